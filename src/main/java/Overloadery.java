@@ -123,7 +123,9 @@ public final class Overloadery {
         needClass(base);
         if (base >= cls || hierarchy.hasOwnBase(cls, base)) throw new IllegalArgumentException();
         if (hierarchy.bases(cls) >= Hierarchy.EACH || making.hasBegun()) throw new IllegalStateException();
-        return hierarchy.putBase(cls, base, isVirtual);
+        int bases = hierarchy.putBase(cls, base, isVirtual);
+        methods.findOwners();
+        return bases;
     }
 
     public int addMember(int cls, int member)
@@ -242,21 +244,18 @@ public final class Overloadery {
     public int candidates(int namespace, int name) throws IndexOutOfBoundsException, IllegalArgumentException {
         needNamespace(namespace);
         needName(name);
-        bodies.startAnew();
         choice.gather(namespace, name);
         return choice.count();
     }
 
     public boolean isViable(int function) throws IndexOutOfBoundsException {
         needFunction(function);
-        bodies.startAnew();
         return call.settles(function);
     }
 
     public int coming(int function, int argument) throws IndexOutOfBoundsException, IllegalStateException {
         needFunction(function);
         if (argument < 0 || argument >= call.count()) throw new IndexOutOfBoundsException();
-        bodies.startAnew();
         if (!call.settles(function)) throw new IllegalStateException();
         int way = call.wayOf(function, argument);
         return call.isSure(function, argument) ? way : -1 - way;
@@ -267,7 +266,6 @@ public final class Overloadery {
             UnsupportedOperationException {
         needFunction(function);
         if (!isParameter(parameter)) throw new IndexOutOfBoundsException();
-        bodies.startAnew();
         if (!call.settles(function)) throw new IllegalStateException();
         if (!call.standsFor(parameter)) throw new NoSuchElementException();
         int number = table.number(call.bound(parameter));
@@ -278,18 +276,20 @@ public final class Overloadery {
     public int resolve(int namespace, int name) throws IndexOutOfBoundsException, IllegalArgumentException {
         needNamespace(namespace);
         needName(name);
-        bodies.startAnew();
         choice.gather(namespace, name);
-        choice.keepViable();
+        for (int i = 0; i < functions.count(); i++) {
+            if (choice.has(i) && !call.settles(i)) choice.drop(i);
+        }
         return choice.answer(choice.bestByWalks());
     }
 
     public int resolveAnew(int namespace, int name) throws IndexOutOfBoundsException, IllegalArgumentException {
         needNamespace(namespace);
         needName(name);
-        bodies.startAnew();
         choice.gather(namespace, name);
-        choice.keepViable();
+        for (int i = 0; i < functions.count(); i++) {
+            if (choice.has(i) && !call.settles(i)) choice.drop(i);
+        }
         return choice.answer(choice.bestByPairs());
     }
 
@@ -386,7 +386,6 @@ public final class Overloadery {
     public float viableShare() throws ArithmeticException {
         int all = functions.count();
         if (all == 0) throw new ArithmeticException();
-        bodies.startAnew();
         int viable = 0;
         for (int i = 0; i < all; i++) {
             if (call.settles(i)) viable++;
@@ -479,9 +478,9 @@ public final class Overloadery {
     }
 
     /**
-     * The types, each a row of tokens: that of a pointer or an instance stands ahead of those of the types in it, so that
-     * the size of a type is the length of its row. The numbered types come first; behind them are the passing ones, which
-     * come about within a call and have no number.
+     * The types, each a row of tokens: that of a pointer or an instance stands ahead of those of the types in it, so
+     * that the size of a type is the length of its row. The numbered types come first; behind them are the passing
+     * ones, which come about within a call and have no number.
      */
     private static final class TypeTable {
         static final int TRUTH = 0;
@@ -495,7 +494,7 @@ public final class Overloadery {
         static final int TWOFOLD = 60;
 
         private static final int NUMBERED = 150;
-        private static final int ROOM = 1000;
+        private static final int ROOM = 600;
         private static final int LARGEST = 30;
         private static final int NO_TOKEN = -1;
 
@@ -553,7 +552,8 @@ public final class Overloadery {
         }
 
         int token(int type, int at) {
-            return at >= 0 && at < size(type) ? tokens[type * LARGEST + at] : NO_TOKEN;
+            boolean isThere = type >= 0 && type < ROOM && at >= 0 && at < sizes[type];
+            return isThere ? tokens[type * LARGEST + at] : NO_TOKEN;
         }
 
         boolean isOpen(int type) {
@@ -566,7 +566,7 @@ public final class Overloadery {
 
         /** Where the type that begins at a place of a row ends. */
         int end(int type, int from) {
-            int size = size(type);
+            int size = type >= 0 && type < ROOM && from >= 0 ? sizes[type] : 0;
             int missing = 1;
             int at = from;
             while (missing > 0 && at < size) {
@@ -578,11 +578,18 @@ public final class Overloadery {
             return at;
         }
 
+        /** Whether the same stands from a place of a row on as in another row; both are known to be as long. */
         boolean isSamePart(int type, int from, int to, int other, int otherFrom) {
+            int shift = other * LARGEST + otherFrom - from;
             for (int i = from; i < to; i++) {
-                if (token(type, i) != token(other, otherFrom + i - from)) return false;
+                if (tokens[type * LARGEST + i] != tokens[shift + i]) return false;
             }
             return true;
+        }
+
+        /** Behind all types that have a row, the passing ones among them. */
+        int used() {
+            return passing;
         }
 
         void forgetPassing() {
@@ -691,17 +698,19 @@ public final class Overloadery {
             return rows[frame * PARAMETERS + parameter] != NONE;
         }
 
-        int head(int frame, int parameter) {
-            int slot = frame * PARAMETERS + parameter;
-            return table.token(rows[slot], starts[slot]);
+        int row(int frame, int parameter) {
+            return rows[frame * PARAMETERS + parameter];
         }
 
-        int bound(int frame, int parameter) {
-            int slot = frame * PARAMETERS + parameter;
-            return rows[slot] == NONE ? NONE : table.part(rows[slot], starts[slot], ends[slot]);
+        int start(int frame, int parameter) {
+            return starts[frame * PARAMETERS + parameter];
         }
 
-        /** Lets a parameter stand for what begins at a place of a row, and tells where that ends, NONE if it stands for another type. */
+        int end(int frame, int parameter) {
+            return ends[frame * PARAMETERS + parameter];
+        }
+
+        /** Lets a parameter stand for what begins at a place of a row; tells where that ends, NONE if it stands otherwise. */
         int stand(int frame, int parameter, int type, int at) {
             int slot = frame * PARAMETERS + parameter;
             int end = table.end(type, at);
@@ -715,7 +724,10 @@ public final class Overloadery {
             return isAsLong && table.isSamePart(type, at, end, rows[slot], starts[slot]) ? end : NONE;
         }
 
-        /** Matches a pattern with what begins at a place of a row, and tells where that ends, NONE if it does not match. */
+        /**
+         * Matches a pattern with what begins at a place of a row, and tells where that ends, NONE if it does not match.
+         * A pattern that is none, as the second one of a template with one parameter, ends where it begins.
+         */
         int follow(int frame, int pattern, int type, int from) {
             int size = table.size(pattern);
             int at = from;
@@ -727,7 +739,7 @@ public final class Overloadery {
             return at;
         }
 
-        /** A type with what the parameters stand for in their place; NONE if one stands for nothing, or it would be too large. */
+        /** A type with what the parameters stand for; NONE if one stands for nothing, or if it would be too large. */
         int replaced(int frame, int type) {
             int size = table.size(type);
             table.begin();
@@ -745,7 +757,7 @@ public final class Overloadery {
         }
     }
 
-    /** The sets of constraints, first those of the specialisations, then those of the functions; and what is more special by them. */
+    /** The sets of constraints, those of the specialisations ahead of those of the functions; and what is more special. */
     private static final class Constraints {
         static final int EACH = 4;
         private static final int SETS = Templates.TEMPLATES * Templates.EACH + Functions.FUNCTIONS;
@@ -921,7 +933,7 @@ public final class Overloadery {
         /** The virtual bases of a class in the order in which they are made. */
         private final int[] virtuals = new int[CLASSES * CLASSES];
         private final int[] virtualCounts = new int[CLASSES];
-        /** For each two classes, the bodies of one in the making of another one, members counted: as a part, and as a whole. */
+        /** For each two classes, the bodies of one in another one, members counted: as a part, and as a whole object. */
         private final long[] partBodies = new long[CLASSES * CLASSES];
         private final long[] wholeBodies = new long[CLASSES * CLASSES];
         /** How many numbers of objects the making of a class takes: as a part, and as a whole. */
@@ -1129,8 +1141,9 @@ public final class Overloadery {
     }
 
     /**
-     * Which body and base an instance has. This may ask what another instance leads to, for a constraint, and so on; what
-     * was found is kept until the call ends, and an instance that is asked for while its own body is looked for is not sure.
+     * Which body and base an instance has. This may ask what another instance leads to, for a constraint, and so on;
+     * what was found is kept until the call ends. The document does not tell what holds when an instance is asked for
+     * while its own body is looked for: it is taken as not sure then.
      */
     private static final class Bodies {
         static final int ITSELF = -1;
@@ -1155,10 +1168,10 @@ public final class Overloadery {
         }
 
         void startAnew() {
-            table.forgetPassing();
-            for (int i = 0; i < TypeTable.ROOM; i++) {
+            for (int i = 0; i < table.used(); i++) {
                 isFound[i] = false;
             }
+            table.forgetPassing();
         }
 
         /** The base of an instance, NONE if it has none. */
@@ -1173,7 +1186,8 @@ public final class Overloadery {
                 int at = bindings.stand(depth, 0, type, 1);
                 if (templates.parameters(template) == 2) bindings.stand(depth, 1, type, at);
             } else {
-                matches(type, template, body, depth);
+                int at = bindings.follow(depth, templates.pattern(template, body, 0), type, 1);
+                bindings.follow(depth, templates.pattern(template, body, 1), type, at);
             }
             return bindings.replaced(depth, told);
         }
@@ -1204,18 +1218,11 @@ public final class Overloadery {
             return UNSURE;
         }
 
-        private boolean matches(int type, int template, int specialisation, int depth) {
-            bindings.empty(depth);
-            int at = 1;
-            for (int i = 0; i < templates.parameters(template) && at != NONE; i++) {
-                at = bindings.follow(depth, templates.pattern(template, specialisation, i), type, at);
-            }
-            return at != NONE;
-        }
-
         private boolean fits(int type, int template, int specialisation, int depth) {
-            if (!matches(type, template, specialisation, depth)) return false;
-            return areMet(bindings, depth, Templates.place(template, specialisation), depth);
+            bindings.empty(depth);
+            int at = bindings.follow(depth, templates.pattern(template, specialisation, 0), type, 1);
+            int end = bindings.follow(depth, templates.pattern(template, specialisation, 1), type, at);
+            return end != NONE && areMet(bindings, depth, Templates.place(template, specialisation), depth);
         }
 
         /** Whether the constraints of a set hold for what the parameters stand for. */
@@ -1223,31 +1230,27 @@ public final class Overloadery {
             for (int i = 0; i < constraints.count(set); i++) {
                 int parameter = constraints.parameterAt(set, i);
                 if (!standing.stands(frame, parameter)) return false;
-                int head = standing.head(frame, parameter);
-                boolean isDerivable = TypeTable.isClass(head) || TypeTable.isInstance(head);
-                boolean isMet = false;
-                switch (constraints.letterAt(set, i)) {
-                    case 'p':
-                        isMet = head == TypeTable.POINTER;
-                        break;
-                    case 'c':
-                        isMet = isDerivable;
-                        break;
-                    case 'b':
-                        isMet = TypeTable.isBasic(head);
-                        break;
-                    default:
-                        int type = standing.bound(frame, parameter);
-                        int target = table.ofClass(constraints.classAt(set, i));
-                        isMet = isDerivable && stepsAt(type, target, depth + 1) >= 0;
-                        break;
+                int row = standing.row(frame, parameter);
+                int start = standing.start(frame, parameter);
+                char letter = constraints.letterAt(set, i);
+                if (letter == 'd') {
+                    int type = table.part(row, start, standing.end(frame, parameter));
+                    int target = table.ofClass(constraints.classAt(set, i));
+                    if (stepsAt(type, target, depth + 1) < 0) return false;
+                } else if (!isOfKind(table.token(row, start), letter)) {
+                    return false;
                 }
-                if (!isMet) return false;
             }
             return true;
         }
 
-        /** The steps from a type to a base, 0 if it is the type itself; NONE if it is no base, SEVERAL if there are several parts of it. */
+        private static boolean isOfKind(int head, char letter) {
+            if (letter == 'p') return head == TypeTable.POINTER;
+            if (letter == 'b') return TypeTable.isBasic(head);
+            return TypeTable.isClass(head) || TypeTable.isInstance(head);
+        }
+
+        /** The steps from a type to a base, 0 to itself; NONE if it is no base, SEVERAL if there are several parts of it. */
         private int stepsAt(int type, int target, int depth) {
             if (type == NONE || target == NONE) return NONE;
             int at = type;
@@ -1432,13 +1435,20 @@ public final class Overloadery {
         }
 
         int bound(int parameter) {
-            return bindings.bound(DEDUCED, parameter);
+            int start = bindings.start(DEDUCED, parameter);
+            return table.part(bindings.row(DEDUCED, parameter), start, bindings.end(DEDUCED, parameter));
         }
 
         /** Finds how the arguments come to the parameters of a function, and tells whether it is viable. */
         boolean settles(int function) {
+            bodies.startAnew();
             bindings.empty(DEDUCED);
-            if (functions.parameters(function) != count || !deduces(function)) return false;
+            if (functions.parameters(function) != count) return false;
+            for (int i = 0; i < count; i++) {
+                int told = functions.told(function, i);
+                taken[i] = table.isOpen(told) ? matched(told, arguments[i]) : told;
+                if (taken[i] == NONE) return false;
+            }
             if (!bodies.areMet(bindings, DEDUCED, Functions.constraintSet(function), 0)) return false;
             for (int i = 0; i < count; i++) {
                 int way = directWay(function, i);
@@ -1456,16 +1466,7 @@ public final class Overloadery {
             return true;
         }
 
-        private boolean deduces(int function) {
-            for (int i = 0; i < count; i++) {
-                int told = functions.told(function, i);
-                taken[i] = table.isOpen(told) ? matched(told, arguments[i]) : told;
-                if (taken[i] == NONE) return false;
-            }
-            return true;
-        }
-
-        /** The type that a pattern takes for an argument: that of the argument, or the only one of its bases that matches. */
+        /** The type that a pattern takes of an argument: that of the argument, or the only one of its bases that matches. */
         private int matched(int pattern, int type) {
             if (tries(pattern, type)) {
                 bindings.copy(TRIED, DEDUCED);
@@ -1570,7 +1571,6 @@ public final class Overloadery {
         private final Call call;
         private final boolean[] areIn = new boolean[Functions.FUNCTIONS];
         private final int[] queue = new int[TypeTable.ROOM];
-        private final boolean[] isQueued = new boolean[TypeTable.ROOM];
         private int queueLength;
 
         Choice(TypeTable table, Hierarchy hierarchy, Constraints constraints, Bodies bodies, Functions functions,
@@ -1593,6 +1593,7 @@ public final class Overloadery {
 
         /** Finds the candidates of the call of a name. */
         void gather(int namespace, int name) {
+            bodies.startAnew();
             for (int i = 0; i < Functions.FUNCTIONS; i++) {
                 areIn[i] = false;
             }
@@ -1616,9 +1617,6 @@ public final class Overloadery {
 
         /** Goes through the types of the arguments, and through those that are bases of instances in them. */
         private void gatherByArguments(int name) {
-            for (int i = 0; i < TypeTable.ROOM; i++) {
-                isQueued[i] = false;
-            }
             queueLength = 0;
             for (int i = 0; i < call.count(); i++) {
                 enqueue(call.argument(i));
@@ -1629,19 +1627,18 @@ public final class Overloadery {
                 for (int i = 0; i < size; i++) {
                     int token = table.token(type, i);
                     if (TypeTable.isClass(token)) takeFromClass(token - TypeTable.CLASS, name);
-                    else if (TypeTable.isInstance(token)) enqueueBase(table.part(type, i, table.end(type, i)));
+                    if (!TypeTable.isInstance(token)) continue;
+                    int instance = table.part(type, i, table.end(type, i));
+                    if (instance != NONE) enqueue(bodies.baseAt(instance, 0));
                 }
             }
         }
 
         private void enqueue(int type) {
-            if (type == NONE || isQueued[type] || queueLength >= TypeTable.ROOM) return;
-            isQueued[type] = true;
-            queue[queueLength++] = type;
-        }
-
-        private void enqueueBase(int instance) {
-            if (instance != NONE) enqueue(bodies.baseAt(instance, 0));
+            for (int i = 0; i < queueLength; i++) {
+                if (queue[i] == type) return;
+            }
+            if (type != NONE && queueLength < TypeTable.ROOM) queue[queueLength++] = type;
         }
 
         private void takeFromClass(int cls, int name) {
@@ -1650,10 +1647,12 @@ public final class Overloadery {
             }
         }
 
-        void keepViable() {
-            for (int i = 0; i < functions.count(); i++) {
-                if (areIn[i]) areIn[i] = call.settles(i);
-            }
+        boolean has(int function) {
+            return areIn[function];
+        }
+
+        void drop(int function) {
+            areIn[function] = false;
         }
 
         /** The best one by a walk for it and a walk against it. */
@@ -1714,17 +1713,22 @@ public final class Overloadery {
         private final boolean[] doOverride = new boolean[Hierarchy.CLASSES * METHODS];
         private final int[] spoken = new int[Hierarchy.CLASSES];
         private final boolean[] doDelegate = new boolean[Hierarchy.CLASSES];
+        private final int[] owners = new int[Hierarchy.CLASSES * METHODS];
 
         Methods(Hierarchy hierarchy) {
             this.hierarchy = hierarchy;
             for (int i = 0; i < Hierarchy.CLASSES; i++) {
                 spoken[i] = NONE;
             }
+            for (int i = 0; i < Hierarchy.CLASSES * METHODS; i++) {
+                owners[i] = NONE;
+            }
         }
 
         boolean change(int cls, int method, boolean does) {
             boolean before = doOverride[cls * METHODS + method];
             doOverride[cls * METHODS + method] = does;
+            findOwners();
             return before;
         }
 
@@ -1745,6 +1749,19 @@ public final class Overloadery {
 
         /** The class whose method it is for a class, NONE or SEVERAL. */
         int ownerOf(int cls, int method) {
+            return owners[cls * METHODS + method];
+        }
+
+        /** To be called whenever a class gets a base, too. */
+        void findOwners() {
+            for (int cls = 0; cls < hierarchy.count(); cls++) {
+                for (int method = 0; method < METHODS; method++) {
+                    owners[cls * METHODS + method] = foundOwner(cls, method);
+                }
+            }
+        }
+
+        private int foundOwner(int cls, int method) {
             if (doOverride[cls * METHODS + method]) return cls;
             int owner = NONE;
             for (int base = 0; base < cls; base++) {
@@ -1847,7 +1864,8 @@ public final class Overloadery {
 
         int closeBlock() {
             takeTemporaries();
-            leaveBlock();
+            blocks--;
+            takeDownFrom(blocks);
             return blocks;
         }
 
@@ -1856,7 +1874,7 @@ public final class Overloadery {
             for (int i = 0; i < count; i++) {
                 long number = next;
                 if (!makeWhole(cls)) {
-                    takeDownTo(before);
+                    takeDownArray(before);
                     return unwind();
                 }
                 livingClasses[living] = cls;
@@ -1883,23 +1901,24 @@ public final class Overloadery {
         char unwind() {
             takeTemporaries();
             while (blocks > 1) {
-                boolean isCaught = areTries[blocks - 1];
-                leaveBlock();
-                if (isCaught) return 'c';
+                blocks--;
+                takeDownFrom(blocks);
+                if (areTries[blocks]) return 'c';
             }
-            takeDownTo(0);
+            takeDownFrom(0);
             return 'u';
         }
 
-        private void leaveBlock() {
-            int first = living;
-            while (first > 0 && livingBlocks[first - 1] == blocks - 1) first--;
-            takeDownTo(first);
-            blocks--;
+        /** Takes down the objects of a block and of those in it; there are no temporaries among them. */
+        private void takeDownFrom(int block) {
+            while (living > 0 && livingBlocks[living - 1] >= block) {
+                living--;
+                takeWhole(livingClasses[living], livingNumbers[living]);
+            }
         }
 
-        private void takeDownTo(int first) {
-            while (living > first) {
+        private void takeDownArray(int before) {
+            while (living > before) {
                 living--;
                 takeWhole(livingClasses[living], livingNumbers[living]);
             }
@@ -1982,7 +2001,7 @@ public final class Overloadery {
             takeVirtuals(cls, number, end - hierarchy.partObjects(cls), hierarchy.virtuals(cls));
         }
 
-        /** Takes down the first so many virtual bases; end is behind the numbers of the members in them, which are used up to there. */
+        /** Takes down the first so many virtual bases; the numbers of the members in them are those ahead of the end. */
         private void takeVirtuals(int cls, long number, long end, int count) {
             long left = end;
             for (int i = count - 1; i >= 0; i--) {
@@ -2019,7 +2038,7 @@ public final class Overloadery {
             }
         }
 
-        /** Whether nothing of a making is to be traced, and none of it throws: then it is only counted, as it may be very long. */
+        /** Whether nothing of a making is traced any more, and none of it throws: as it may be very long, it is only counted. */
         private boolean isQuiet(int cls, boolean isWhole) {
             if (traced < TRACE) return false;
             for (int i = 0; i <= cls; i++) {
