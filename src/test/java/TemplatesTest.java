@@ -19,6 +19,9 @@ public final class TemplatesTest {
         test.moreConstraints();
         test.notSure();
         test.basesBeyondClasses();
+        test.deepConstraints();
+        test.circles();
+        test.growth();
         test.c.finish("TemplatesTest");
     }
 
@@ -282,5 +285,83 @@ public final class TemplatesTest {
         int base = x.instance(1, 2, -1);
         c.due("its base", () -> x.distance(instance, base), 1);
         c.due("the sixth step from there", () -> x.distance(base, classes[2]), 6);
+    }
+
+    /** Each instance asks twice what the one in it leads to; that is found once. */
+    private void deepConstraints() {
+        Overloadery x = new Overloadery();
+        x.addClass(0);
+        x.addClass(0);
+        x.addTemplate(1);
+        int t0 = x.parameter(0);
+        for (int i = 0; i < 2; i++) {
+            x.specialise(0, t0, -1);
+            x.constrain(0, i, 0, 'd', i);
+        }
+        x.setBase(0, -1, x.classType(0));
+        int type = 2;
+        for (int depth = 1; depth < 30; depth++) {
+            type = x.instance(0, type, -1);
+            int instance = type;
+            c.due("depth " + depth, () -> x.chosenFor(instance), depth % 2 == 0 ? 0 : -1);
+        }
+    }
+
+    /** An instance that asks for its own body: the document does not tell what holds, but the calls end. */
+    private void circles() {
+        Overloadery x = new Overloadery();
+        x.addClass(0);
+        int derived = x.addTemplate(1);
+        int base = x.addTemplate(1);
+        int t0 = x.parameter(0);
+        x.setBase(derived, -1, x.instance(base, x.instance(derived, t0, -1), -1));
+        x.setBase(base, -1, x.classType(0));
+        x.specialise(base, t0, -1);
+        x.constrain(base, 0, 0, 'd', 0);
+        int instance = x.instance(derived, 2, -1);
+        int itsBase = x.instance(base, instance, -1);
+        int cls = x.classType(0);
+        c.due("it has a base", () -> x.baseOf(instance), itsBase);
+        c.due("some body", () -> x.chosenFor(itsBase) >= -2 && x.chosenFor(itsBase) <= 0, true);
+        c.due("the same one again", () -> x.chosenFor(itsBase) == x.chosenFor(itsBase), true);
+        c.due("some distance or none", () -> {
+            try {
+                return x.distance(instance, cls) == 2;
+            } catch (java.util.NoSuchElementException e) {
+                return true;
+            }
+        }, true);
+    }
+
+    /** Bases that grow, and of which there are very many: the calls end. */
+    private void growth() {
+        Overloadery x = new Overloadery();
+        x.addClass(0);
+        x.addTemplate(2);
+        int t0 = x.parameter(0);
+        int t1 = x.parameter(1);
+        int swapped = x.instance(0, t1, t0);
+        x.setBase(0, -1, x.instance(0, swapped, x.pointerTo(t0)));
+        for (int i = 0; i < 4; i++) {
+            x.specialise(0, x.pointerTo(t0), i % 2 == 0 ? x.instance(0, t0, t1) : t1);
+            x.setBase(0, i, x.instance(0, x.instance(0, t1, x.pointerTo(t0)), x.instance(0, t0, t0)));
+            for (int j = 0; j < 4; j++) {
+                x.constrain(0, i, j % 2, 'd', 0);
+            }
+        }
+        x.addFunction(0, 0, false);
+        x.addParameter(0, 'c', x.instance(0, t0, x.instance(0, t0, t1)));
+        int type = x.instance(0, x.instance(0, 1, 2), x.pointerTo(x.instance(0, 3, x.pointerTo(4))));
+        for (int i = 0; i < 3; i++) {
+            x.addArgument(type, 'l');
+            c.due("candidates with " + i, () -> x.candidates(0, 0), 1);
+            resolvesSomehow(x, i);
+        }
+        int cls = x.classType(0);
+        c.due("no class among them", () -> x.distance(type, cls), NO_ELEMENT);
+    }
+
+    private void resolvesSomehow(Overloadery x, int arguments) {
+        c.due("both ways alike with " + arguments, () -> x.resolve(0, 0) == x.resolveAnew(0, 0), true);
     }
 }
