@@ -587,11 +587,6 @@ public final class Overloadery {
             return true;
         }
 
-        /** Behind all types that have a row, the passing ones among them. */
-        int used() {
-            return passing;
-        }
-
         void forgetPassing() {
             passing = NUMBERED;
         }
@@ -710,7 +705,7 @@ public final class Overloadery {
             return ends[frame * PARAMETERS + parameter];
         }
 
-        /** Lets a parameter stand for what begins at a place of a row; tells where that ends, NONE if it stands otherwise. */
+        /** Lets a parameter stand for what begins at a place; tells where that ends, NONE if it stands otherwise. */
         int stand(int frame, int parameter, int type, int at) {
             int slot = frame * PARAMETERS + parameter;
             int end = table.end(type, at);
@@ -757,7 +752,7 @@ public final class Overloadery {
         }
     }
 
-    /** The sets of constraints, those of the specialisations ahead of those of the functions; and what is more special. */
+    /** The sets of constraints, those of specialisations ahead of those of functions; and what is more special. */
     private static final class Constraints {
         static final int EACH = 4;
         private static final int SETS = Templates.TEMPLATES * Templates.EACH + Functions.FUNCTIONS;
@@ -933,7 +928,7 @@ public final class Overloadery {
         /** The virtual bases of a class in the order in which they are made. */
         private final int[] virtuals = new int[CLASSES * CLASSES];
         private final int[] virtualCounts = new int[CLASSES];
-        /** For each two classes, the bodies of one in another one, members counted: as a part, and as a whole object. */
+        /** For each two classes, the bodies of one in another one, members counted: as a part, and as a whole. */
         private final long[] partBodies = new long[CLASSES * CLASSES];
         private final long[] wholeBodies = new long[CLASSES * CLASSES];
         /** How many numbers of objects the making of a class takes: as a part, and as a whole. */
@@ -1157,7 +1152,9 @@ public final class Overloadery {
         private final Templates templates;
         private final Bindings bindings;
         private final int[] found = new int[TypeTable.ROOM];
-        private final boolean[] isFound = new boolean[TypeTable.ROOM];
+        /** The search in which the body of an instance was found last. */
+        private final int[] searches = new int[TypeTable.ROOM];
+        private int search;
 
         Bodies(TypeTable table, Hierarchy hierarchy, Constraints constraints, Templates templates) {
             this.table = table;
@@ -1168,9 +1165,7 @@ public final class Overloadery {
         }
 
         void startAnew() {
-            for (int i = 0; i < table.used(); i++) {
-                isFound[i] = false;
-            }
+            search++;
             table.forgetPassing();
         }
 
@@ -1193,9 +1188,9 @@ public final class Overloadery {
         }
 
         private int bodyAt(int type, int depth) {
-            if (isFound[type]) return found[type];
+            if (searches[type] == search) return found[type];
             if (depth >= DEEPEST) return UNSURE;
-            isFound[type] = true;
+            searches[type] = search;
             found[type] = UNSURE;
             int template = TypeTable.templateOf(table.head(type));
             int fitting = 0;
@@ -1250,7 +1245,7 @@ public final class Overloadery {
             return TypeTable.isClass(head) || TypeTable.isInstance(head);
         }
 
-        /** The steps from a type to a base, 0 to itself; NONE if it is no base, SEVERAL if there are several parts of it. */
+        /** The steps from a type to a base, 0 to itself; NONE if it is no base, SEVERAL if there are several parts. */
         private int stepsAt(int type, int target, int depth) {
             if (type == NONE || target == NONE) return NONE;
             int at = type;
@@ -1466,7 +1461,7 @@ public final class Overloadery {
             return true;
         }
 
-        /** The type that a pattern takes of an argument: that of the argument, or the only one of its bases that matches. */
+        /** The type that a pattern takes: that of the argument, or the only one of its bases that matches. */
         private int matched(int pattern, int type) {
             if (tries(pattern, type)) {
                 bindings.copy(TRIED, DEDUCED);
@@ -2001,7 +1996,7 @@ public final class Overloadery {
             takeVirtuals(cls, number, end - hierarchy.partObjects(cls), hierarchy.virtuals(cls));
         }
 
-        /** Takes down the first so many virtual bases; the numbers of the members in them are those ahead of the end. */
+        /** Takes down the first so many virtual bases; the members in them have the numbers ahead of the end. */
         private void takeVirtuals(int cls, long number, long end, int count) {
             long left = end;
             for (int i = count - 1; i >= 0; i--) {
@@ -2038,7 +2033,7 @@ public final class Overloadery {
             }
         }
 
-        /** Whether nothing of a making is traced any more, and none of it throws: as it may be very long, it is only counted. */
+        /** Whether nothing of a making is traced, and none of it throws: as it may be very long, it is only counted. */
         private boolean isQuiet(int cls, boolean isWhole) {
             if (traced < TRACE) return false;
             for (int i = 0; i <= cls; i++) {
