@@ -13,15 +13,29 @@ import java.util.TreeSet;
 
 /**
  * The document once more, with trees, sets and logs of the Java library and as plainly as it goes; RandomRuns compares the
- * program with it. Where an instance asks for its own body, about which the document is silent, or for far too many
- * types, it sets isBeyond.
+ * program with it. Where instances ask for one another in a circle, it tries all ways of choosing their bodies; if not
+ * just one goes with the document, or if there are too many types or ways, it sets isBeyond.
  */
 final class Model {
-    record Type(char kind, int number, List<Type> parts) {
-        int size() {
+    static final class Type {
+        final char kind;
+        final int number;
+        final List<Type> parts;
+        private final int hash;
+        private final int size;
+
+        Type(char kind, int number, List<Type> parts) {
+            this.kind = kind;
+            this.number = number;
+            this.parts = parts;
+            hash = (kind * 31 + number) * 31 + parts.hashCode();
             int sum = 1;
-            for (Type part : parts) sum += part.size();
-            return sum;
+            for (Type part : parts) sum += part.size;
+            size = sum;
+        }
+
+        int size() {
+            return size;
         }
 
         boolean isOpen() {
@@ -30,6 +44,20 @@ final class Model {
 
         boolean hasBases() {
             return kind == 'c' || kind == 'i';
+        }
+
+        @Override
+        public int hashCode() {
+            return hash;
+        }
+
+        @Override
+        public boolean equals(Object other) {
+            if (this == other) return true;
+            if (!(other instanceof Type)) return false;
+            Type type = (Type) other;
+            boolean isAlike = hash == type.hash && kind == type.kind && number == type.number;
+            return isAlike && parts.equals(type.parts);
         }
     }
 
@@ -92,8 +120,10 @@ final class Model {
         List<List<Body>> objects = new ArrayList<>();
     }
 
-    /** With more types than this in one call, there are so many that even the program may give up. */
+    /** The types for which the body is looked for in one call; those in a circle; the ways that are tried. */
     private static final int MOST = 200;
+    private static final int MOST_IN_CIRCLES = 40;
+    private static final int MOST_WAYS = 3000;
 
     boolean isBeyond;
     private final List<Type> types = new ArrayList<>();
@@ -243,15 +273,20 @@ final class Model {
         return found;
     }
 
+    /** To be called ahead of each call. */
     void forget() {
         remembered.clear();
+        inProgress.clear();
+        isBeyond = false;
+        circles = 0;
     }
 
     private int chosenAnew(Type instance) {
-        if (isBeyond || inProgress.size() > 35 || remembered.size() > MOST || !inProgress.add(instance)) {
+        if (isBeyond || inProgress.size() > 100 || remembered.size() > MOST) {
             isBeyond = true;
             return -2;
         }
+        if (!inProgress.add(instance)) return chosenInCircle(instance);
         List<Pattern> all = templates.get(instance.number).specialisations;
         List<Integer> fitting = new ArrayList<>();
         for (int i = 0; i < all.size(); i++) {
@@ -262,6 +297,10 @@ final class Model {
             if (doHold) fitting.add(i);
         }
         inProgress.remove(instance);
+        return mostSpecial(all, fitting);
+    }
+
+    private static int mostSpecial(List<Pattern> all, List<Integer> fitting) {
         if (fitting.isEmpty()) return -1;
         for (int own : fitting) {
             boolean isBest = true;
@@ -271,6 +310,111 @@ final class Model {
             if (isBest) return own;
         }
         return -2;
+    }
+
+    // ---- circles
+
+    /** How many instances were met while their own bodies were looked for. */
+    int circles;
+    private final Map<Type, Integer> way = new HashMap<>();
+    private final Set<List<Object>> seenAtStep = new HashSet<>();
+    private int tries;
+
+    private int chosenInCircle(Type instance) {
+        circles++;
+        seenAtStep.clear();
+        Set<Type> all = new LinkedHashSet<>();
+        gather(instance, new HashSet<>(), all);
+        Set<Integer> answers = new HashSet<>();
+        way.clear();
+        tries = 0;
+        if (!isBeyond) tryWays(instance, new ArrayList<>(all), 0, answers);
+        if (answers.size() != 1) isBeyond = true;
+        return answers.size() == 1 ? answers.iterator().next() : -2;
+    }
+
+    /** Gathers all instances on which the body of one can depend, whatever their bodies are; it comes last itself. */
+    private void gather(Type instance, Set<Type> seen, Set<Type> all) {
+        if (!seen.add(instance)) return;
+        if (seen.size() > MOST_IN_CIRCLES) isBeyond = true;
+        if (isBeyond) return;
+        for (Pattern pattern : templates.get(instance.number).specialisations) {
+            Map<Integer, Type> bound = matchesRow(pattern.row, instance.parts);
+            if (bound == null) continue;
+            for (Constraint constraint : pattern.constraints) {
+                Type type = bound.get(constraint.parameter);
+                if (constraint.letter == 'd' && type != null) gatherBases(type, 0, seen, all);
+            }
+        }
+        all.add(instance);
+    }
+
+    private void gatherBases(Type type, int step, Set<Type> seen, Set<Type> all) {
+        if (type.kind != 'i' || step == 6 || !seenAtStep.add(List.of(type, step))) return;
+        gather(type, seen, all);
+        for (int body = -2; body < templates.get(type.number).specialisations.size() && !isBeyond; body++) {
+            Type base = fits(type, body) ? base(type, body) : null;
+            if (base != null) gatherBases(base, step + 1, seen, all);
+        }
+    }
+
+    /** Whether an instance can have a body, whatever the constraints. */
+    private boolean fits(Type type, int body) {
+        return body < 0 || matchesRow(templates.get(type.number).specialisations.get(body).row, type.parts) != null;
+    }
+
+    private void tryWays(Type asked, List<Type> all, int at, Set<Integer> answers) {
+        if (++tries > MOST_WAYS) isBeyond = true;
+        if (isBeyond || answers.size() > 1) return;
+        if (at == all.size()) {
+            answers.add(way.get(asked));
+            return;
+        }
+        Type type = all.get(at);
+        for (int body = -2; body < templates.get(type.number).specialisations.size(); body++) {
+            if (!fits(type, body)) continue;
+            way.put(type, body);
+            boolean isGood = true;
+            for (Type other : way.keySet()) isGood = isGood && goes(other);
+            if (isGood) tryWays(asked, all, at + 1, answers);
+            way.remove(type);
+        }
+    }
+
+    /** Whether the body of an instance follows from the others, as far as these are there. */
+    private boolean goes(Type instance) {
+        List<Pattern> all = templates.get(instance.number).specialisations;
+        List<Integer> fitting = new ArrayList<>();
+        for (int i = 0; i < all.size(); i++) {
+            Map<Integer, Type> bound = matchesRow(all.get(i).row, instance.parts);
+            if (bound == null) continue;
+            boolean doHold = true;
+            for (Constraint constraint : all.get(i).constraints) {
+                if (constraint.letter != 'd') {
+                    doHold = doHold && holds(constraint, bound);
+                    continue;
+                }
+                int leads = leadsInWay(bound.get(constraint.parameter), constraint.cls);
+                if (leads == -1) return true;
+                doHold = doHold && leads == 1;
+            }
+            if (doHold) fitting.add(i);
+        }
+        return way.get(instance) == mostSpecial(all, fitting);
+    }
+
+    /** 1 if a type leads to a class, 0 if not, -1 if a body is not there. */
+    private int leadsInWay(Type type, int cls) {
+        if (type == null) return 0;
+        Type at = type;
+        for (int step = 0; at != null && at.kind == 'i' && step < 6; step++) {
+            if (!way.containsKey(at)) return -1;
+            at = base(at, way.get(at));
+            if (at == null || at.kind != 'c') continue;
+            int more = steps(at.number, cls);
+            return more >= 0 && step + 1 + more <= 6 ? 1 : 0;
+        }
+        return type.kind == 'c' && leads(type, new Type('c', cls, List.of())) >= 0 ? 1 : 0;
     }
 
     private static Type replaced(Type type, Map<Integer, Type> bound) {
@@ -285,7 +429,10 @@ final class Model {
     }
 
     private Type base(Type instance) {
-        int body = chosen(instance);
+        return base(instance, chosen(instance));
+    }
+
+    private Type base(Type instance, int body) {
         if (body == -2) return null;
         Template template = templates.get(instance.number);
         Map<Integer, Type> bound = new HashMap<>();
