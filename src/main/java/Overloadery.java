@@ -1,3 +1,4 @@
+import java.util.Arrays;
 import java.util.NoSuchElementException;
 
 /** A language of templates and objects; the document that it keeps to is ../shared/DOC.md. */
@@ -506,17 +507,20 @@ public final class Overloadery {
         private static final int CHAIN = 4;
         private static final int NOTES = 5;
 
-        /** The types are kept in parts of this size. */
-        private static final int PART_BITS = 9;
-        private static final int PART = 1 << PART_BITS;
-        private static final int PARTS = (ROOM >> PART_BITS) + 1;
+        /** The rows become longer twice, when there is no more room for what a base can take. */
+        private static final int FEW = 1 << 10;
+        private static final int SOME = 1 << 14;
+        private static final int SPARE = 100;
         private static final int FEW_CHAINS = 1 << 11;
         private static final int MANY_CHAINS = 1 << 17;
         private static final int CROWD = 8;
         private static final long SPREAD = 0x9E3779B97F4A7C15L;
         private static final int SPREAD_AT = 40;
 
-        /** The shape of a type: what stands ahead in it and 1, its size, whether it is open, the places of its types and 1. */
+        /**
+         * The shape of a type: what stands ahead in it and 1, its size, whether it is open, the places of its types and
+         * 1.
+         */
         private static final int SIZE_AT = 7;
         private static final int OPEN_AT = 12;
         private static final int FIRST_AT = 13;
@@ -525,8 +529,8 @@ public final class Overloadery {
         private static final int SIZES = (1 << OPEN_AT - SIZE_AT) - 1;
         private static final int PLACES = (1 << SECOND_AT - FIRST_AT) - 1;
 
-        private final long[][] shapes = new long[PARTS][];
-        private final int[][] notes = new int[PARTS][];
+        private long[] shapes = new long[FEW];
+        private int[] notes = new int[FEW * NOTES];
         /** Of each chain of types the last one and 1; the one ahead of it is noted. */
         private int[] chains = new int[FEW_CHAINS];
         private int count;
@@ -600,40 +604,33 @@ public final class Overloadery {
 
         /** What stands ahead in a type: what it is, and of which class or template; NONE for no type. */
         int head(int place) {
-            long[] part = place >= 0 && place < count ? shapes[place >> PART_BITS] : null;
-            return part == null ? NONE : ((int) part[place & PART - 1] & HEADS) - 1;
+            return place >= 0 && place < count ? ((int) shapes[place] & HEADS) - 1 : NONE;
         }
 
         /** The number of types in it, counting each one as often as it is there; 0 for no type. */
         int size(int place) {
-            long[] part = place >= 0 && place < count ? shapes[place >> PART_BITS] : null;
-            return part == null ? 0 : (int) (part[place & PART - 1] >> SIZE_AT) & SIZES;
+            return place >= 0 && place < count ? (int) (shapes[place] >> SIZE_AT) & SIZES : 0;
         }
 
         boolean isOpen(int place) {
-            long[] part = place >= 0 && place < count ? shapes[place >> PART_BITS] : null;
-            return part != null && (part[place & PART - 1] >> OPEN_AT & 1) == 1;
+            return place >= 0 && place < count && (shapes[place] >> OPEN_AT & 1) == 1;
         }
 
         /** The first type that a type is made of, NONE if there is none. */
         int first(int place) {
-            long[] part = place >= 0 && place < count ? shapes[place >> PART_BITS] : null;
-            return part == null ? NONE : ((int) (part[place & PART - 1] >> FIRST_AT) & PLACES) - 1;
+            return place >= 0 && place < count ? ((int) (shapes[place] >> FIRST_AT) & PLACES) - 1 : NONE;
         }
 
         int second(int place) {
-            long[] part = place >= 0 && place < count ? shapes[place >> PART_BITS] : null;
-            return part == null ? NONE : ((int) (part[place & PART - 1] >> SECOND_AT) & PLACES) - 1;
+            return place >= 0 && place < count ? ((int) (shapes[place] >> SECOND_AT) & PLACES) - 1 : NONE;
         }
 
         int note(int place, int kind) {
-            int[] part = place >= 0 && place < count ? notes[place >> PART_BITS] : null;
-            return part == null ? 0 : part[(place & PART - 1) * NOTES + kind];
+            return place >= 0 && place < count ? notes[place * NOTES + kind] : 0;
         }
 
         void setNote(int place, int kind, int value) {
-            int[] part = place >= 0 && place < count ? notes[place >> PART_BITS] : null;
-            if (part != null) part[(place & PART - 1) * NOTES + kind] = value;
+            if (place >= 0 && place < count) notes[place * NOTES + kind] = value;
         }
 
         /** The type that is made of up to two types; NONE if it would be too large. */
@@ -647,34 +644,32 @@ public final class Overloadery {
         int kept(long shape) {
             int chain = (int) (shape * SPREAD >>> SPREAD_AT) & chains.length - 1;
             int at = chains[chain] - 1;
-            for (int i = 0; i < count && at >= 0 && at < count; i++) {
-                if (shapes[at >> PART_BITS][at & PART - 1] == shape) return at;
-                at = notes[at >> PART_BITS][(at & PART - 1) * NOTES + CHAIN] - 1;
+            for (int i = 0; i < count && at >= 0; i++) {
+                if (shapes[at] == shape) return at;
+                at = notes[at * NOTES + CHAIN] - 1;
             }
-            if (count >= ROOM) return NONE;
-            int part = count >> PART_BITS;
-            if (shapes[part] == null || notes[part] == null) {
-                shapes[part] = new long[PART];
-                notes[part] = new int[PART * NOTES];
-            }
-            int row = (count & PART - 1) * NOTES;
+            if (count >= shapes.length) return NONE;
+            shapes[count] = shape;
             for (int i = 0; i < CHAIN; i++) {
-                notes[part][row + i] = 0;
+                notes[count * NOTES + i] = 0;
             }
-            shapes[part][count & PART - 1] = shape;
-            notes[part][row + CHAIN] = chains[chain];
+            notes[count * NOTES + CHAIN] = chains[chain];
             chains[chain] = ++count;
             return count - 1;
         }
 
-        /** Makes more chains when they have become long. */
-        void spread() {
+        /** Makes the rows longer if a base could be too much, and makes more chains if they have become long. */
+        void makeRoom() {
+            if (count + SPARE > shapes.length && shapes.length < ROOM) {
+                int more = shapes.length < SOME ? SOME : ROOM;
+                shapes = Arrays.copyOf(shapes, more);
+                notes = Arrays.copyOf(notes, more * NOTES);
+            }
             if (count <= chains.length * CROWD || chains.length >= MANY_CHAINS) return;
             chains = new int[chains.length * CROWD];
             for (int place = 0; place < count; place++) {
-                long shape = shapes[place >> PART_BITS][place & PART - 1];
-                int chain = (int) (shape * SPREAD >>> SPREAD_AT) & chains.length - 1;
-                notes[place >> PART_BITS][(place & PART - 1) * NOTES + CHAIN] = chains[chain];
+                int chain = (int) (shapes[place] * SPREAD >>> SPREAD_AT) & chains.length - 1;
+                notes[place * NOTES + CHAIN] = chains[chain];
                 chains[chain] = place + 1;
             }
         }
@@ -683,23 +678,23 @@ public final class Overloadery {
         void forgetPassing() {
             forgetSearch(lasting);
             for (int place = 0; place < count; place++) {
-                setNote(place, QUEUE, 0);
+                notes[place * NOTES + QUEUE] = 0;
             }
+            makeRoom();
         }
 
         /** Forgets the types behind so many, and what is noted of the bodies of the others. */
         void forgetSearch(int left) {
             for (int place = count - 1; place >= left; place--) {
                 // The last type is the last one of its chain.
-                long shape = shapes[place >> PART_BITS][place & PART - 1];
-                int chain = (int) (shape * SPREAD >>> SPREAD_AT) & chains.length - 1;
-                chains[chain] = note(place, CHAIN);
+                int chain = (int) (shapes[place] * SPREAD >>> SPREAD_AT) & chains.length - 1;
+                chains[chain] = notes[place * NOTES + CHAIN];
             }
             count = Math.min(count, left);
             for (int place = 0; place < count; place++) {
-                setNote(place, BODIES, 0);
-                setNote(place, BASE, 0);
-                setNote(place, LINK, 0);
+                notes[place * NOTES + BODIES] = 0;
+                notes[place * NOTES + BASE] = 0;
+                notes[place * NOTES + LINK] = 0;
             }
         }
 
@@ -868,8 +863,8 @@ public final class Overloadery {
     }
 
     /**
-     * The class templates with their specialisations, and the sets of constraints, those of specialisations ahead of those
-     * of functions; and what follows from all this whatever the types are.
+     * The class templates with their specialisations, and the sets of constraints, those of specialisations ahead of
+     * those of functions; and what follows from all this whatever the types are.
      */
     private static final class Templates {
         static final int TEMPLATES = 5;
@@ -948,7 +943,8 @@ public final class Overloadery {
             boolean isBasic = TypeTable.isBasic(head);
             boolean hasBases = TypeTable.isClass(head) || TypeTable.isInstance(head);
             for (int i = set * MOST_CONSTRAINTS; i < set * MOST_CONSTRAINTS + constraintCounts[set]; i++) {
-                boolean isOfKind = letters[i] == 'p' ? head == TypeTable.POINTER : letters[i] == 'b' ? isBasic : hasBases;
+                char letter = letters[i];
+                boolean isOfKind = letter == 'p' ? head == TypeTable.POINTER : letter == 'b' ? isBasic : hasBases;
                 if (constrained[i] == parameter && !isOfKind) return false;
             }
             return true;
@@ -1097,7 +1093,8 @@ public final class Overloadery {
         private boolean alwaysFits(int template, int specialisation) {
             int first = table.head(table.place(pattern(template, specialisation, 0)));
             int second = table.head(table.place(pattern(template, specialisation, 1)));
-            boolean isAny = TypeTable.isParameter(first) && (parameters[template] == 1 || TypeTable.isParameter(second));
+            boolean isSingle = parameters[template] == 1;
+            boolean isAny = TypeTable.isParameter(first) && (isSingle || TypeTable.isParameter(second));
             return isAny && first != second && constraintCounts[place(template, specialisation)] == 0;
         }
 
@@ -1131,7 +1128,8 @@ public final class Overloadery {
 
         /** Whether the constraints of a parameter may hold, with these classes and templates about. */
         private boolean canHold(int set, int parameter, int about) {
-            if (canHoldFor(set, parameter, TypeTable.POINTER) || canHoldFor(set, parameter, TypeTable.TRUTH)) return true;
+            if (canHoldFor(set, parameter, TypeTable.POINTER)) return true;
+            if (canHoldFor(set, parameter, TypeTable.TRUTH)) return true;
             for (int i = 0; i < Hierarchy.CLASSES; i++) {
                 if ((about >> i & 1) == 1 && canHoldFor(set, parameter, TypeTable.CLASS + i)) return true;
             }
@@ -1145,8 +1143,10 @@ public final class Overloadery {
         private boolean canHoldFor(int set, int parameter, int head) {
             if (!suits(set, parameter, head)) return false;
             int classes = wanted(set, parameter);
+            if (classes == 0) return true;
             if (TypeTable.isClass(head)) return hierarchy.leads(head - TypeTable.CLASS, classes, 0);
-            return classes == 0 || hierarchy.oneLeads(ends(TypeTable.templateOf(head), Bodies.STEPS), classes, 1);
+            if (!TypeTable.isInstance(head)) return false;
+            return hierarchy.oneLeads(ends(TypeTable.templateOf(head), Bodies.STEPS), classes, 1);
         }
     }
 
@@ -1418,8 +1418,8 @@ public final class Overloadery {
 
     /**
      * The bodies that instances can have, for all that is known of them: a set for each one, which shrinks. Whether a
-     * specialisation fits may depend on what other instances lead to, and so on what their bodies can be; of these, only
-     * those are looked at that matter.
+     * specialisation fits may depend on what other instances lead to, and so on what their bodies can be; of these,
+     * only those are looked at that matter.
      */
     private static final class Possible {
         /** The sets are bits: those of the specialisations, of the template itself, of no sure body. */
@@ -1435,7 +1435,9 @@ public final class Overloadery {
         private static final int FORCED = 1 << BODIES;
         private static final int ANSWER_AT = BODIES + 1;
         private static final int BLOCK = Templates.EACH + 1;
-        private static final int BLOCKS = 1 << 13;
+        private static final int BLOCKS = 1 << 16;
+        private static final int FEW_BLOCKS = 64;
+        private static final int GROWTH = 8;
 
         /** Whether something holds. */
         private static final int NO = 1;
@@ -1530,8 +1532,8 @@ public final class Overloadery {
         }
 
         /**
-         * Looks at an instance, and first at those on which its bodies depend, as far as can be told; at the first or the
-         * last one of these first.
+         * Looks at an instance, and first at those on which its bodies depend, as far as can be told; at the first or
+         * the last one of these first.
          */
         void explore(int first, boolean isBackwards) {
             isLastFirst = isBackwards;
@@ -1539,7 +1541,6 @@ public final class Overloadery {
             table.setNote(first, TypeTable.LINK, 1);
             int top = first;
             for (int i = 0; i < 4 * TypeTable.ROOM && top != NONE; i++) {
-                table.spread();
                 int set = set(top) & lookAt(top, false);
                 change(top, set, false);
                 boolean isSettled = Integer.bitCount(set) == 1;
@@ -1560,6 +1561,7 @@ public final class Overloadery {
 
         /** Finds the base of an instance for one of its bodies, which is told as a set of one. */
         void putBase(int type, int body) {
+            table.makeRoom();
             int template = TypeTable.templateOf(table.head(type));
             int at = 0;
             while (at < BLOCK && body != 1 << at) {
@@ -1586,16 +1588,21 @@ public final class Overloadery {
 
         /** What is noted for a new block of bases; without room, it is as if there were none. */
         private int newBlock() {
-            if (blocks.length == 0) blocks = new int[BLOCKS * BLOCK];
             if (blockCount >= BLOCKS) return 1;
             int start = blockCount++ * BLOCK;
+            if (start + BLOCK > blocks.length) {
+                int more = Math.max(blocks.length * GROWTH, FEW_BLOCKS * BLOCK);
+                blocks = Arrays.copyOf(blocks, Math.min(more, BLOCKS * BLOCK));
+            }
             for (int i = 0; i < BLOCK; i++) {
                 blocks[start + i] = 0;
             }
             return -1 - start;
         }
 
-        /** The bodies that an instance can have, for what is known of others; and what would tell more, unless in brief. */
+        /**
+         * The bodies that an instance can have, for what is known of others; and what would tell more, unless in brief.
+         */
         int lookAt(int type, boolean isInBrief) {
             isBrief = isInBrief;
             int template = TypeTable.templateOf(table.head(type));
@@ -1637,7 +1644,10 @@ public final class Overloadery {
             allLeastLinks[specialisation] = leastLink;
         }
 
-        /** The bodies that can be chosen if some specialisations fit and others may; what would tell more is that of these. */
+        /**
+         * The bodies that can be chosen if some specialisations fit and others may; what would tell more is that of
+         * these.
+         */
         private int combined(int template, int sure, int maybe) {
             int found = 0;
             int mattering = 0;
@@ -1702,10 +1712,10 @@ public final class Overloadery {
 
     /**
      * Chooses the bodies of instances that ask for one another in circles, so that each one is as the others have it.
-     * Where just one body goes with that for an instance, this is it. The document is silent about several ones, of which
-     * it is the first one in an order that is always the same, and that goes with all types that have a number; and about
-     * none, where the bodies in the circle are not sure. What is chosen for the others is forgotten then, so that an answer
-     * does not depend on what was asked for before.
+     * Where just one body goes with that for an instance, this is it. The document is silent about several ones, of
+     * which it is the first one in an order that is always the same, and that goes with all types that have a number;
+     * and about none, where the bodies in the circle are not sure. What is chosen for the others is forgotten then, so
+     * that an answer does not depend on what was asked for before.
      */
     private static final class Circles {
         /** How many instances can be gathered, and how often they are looked at. */
@@ -1742,8 +1752,8 @@ public final class Overloadery {
         }
 
         /**
-         * The body of an instance that was explored and is not settled by that, as a set of one. If it could have others, all
-         * types with a number are taken into account.
+         * The body of an instance that was explored and is not settled by that, as a set of one. If it could have
+         * others, all types with a number are taken into account.
          */
         int settled(int type) {
             begin();
@@ -1798,8 +1808,8 @@ public final class Overloadery {
         }
 
         /**
-         * Gathers those that are open and on which an instance depends, circle by circle, and, if so told, those on which
-         * the types with a number depend. A link tells the lowest height to which one leads, from 1 on.
+         * Gathers those that are open and on which an instance depends, circle by circle, and, if so told, those on
+         * which the types with a number depend. A link tells the lowest height to which one leads, from 1 on.
          */
         private void gather(int type, boolean isWide) {
             height = 0;
@@ -1825,7 +1835,9 @@ public final class Overloadery {
             }
         }
 
-        /** The height of an instance that is open and was not come to before; NONE for others, or if there is no room. */
+        /**
+         * The height of an instance that is open and was not come to before; NONE for others, or if there is no room.
+         */
         private int enter(int type, int origin) {
             boolean isNew = Integer.bitCount(possible.set(type)) > 1 && table.note(type, TypeTable.LINK) == 0;
             if (!isNew || gathered + height >= MOST) return NONE;
@@ -1883,8 +1895,8 @@ public final class Overloadery {
         }
 
         /**
-         * Chooses bodies from one place of the order to another one, so that they go with one another, by trying, and by
-         * taking away what does not go with those chosen. Changes nothing if there is no way.
+         * Chooses bodies from one place of the order to another one, so that they go with one another, by trying, and
+         * by taking away what does not go with those chosen. Changes nothing if there is no way.
          */
         private boolean findsWay(int from, int to, int most) {
             int atFirst = changes;
@@ -2009,8 +2021,8 @@ public final class Overloadery {
         }
 
         /**
-         * Finds the body and the base of an instance. There may be more types than there is room for, though they do not
-         * matter: then it begins with others, and if it is so once more, it leaves the room to what comes later.
+         * Finds the body and the base of an instance. There may be more types than there is room for, though they do
+         * not matter: then it begins with others, and if it is so once more, it leaves the room to what comes later.
          */
         void find(int type) {
             int room = table.count();
@@ -2063,8 +2075,8 @@ public final class Overloadery {
         }
 
         /**
-         * The steps from a type to a base, 0 to itself; NONE if it is no base, SEVERAL if there are several parts. For a
-         * class what stands ahead in its type is enough.
+         * The steps from a type to a base, 0 to itself; NONE if it is no base, SEVERAL if there are several parts. For
+         * a class what stands ahead in its type is enough.
          */
         int steps(int type, int target, int targetHead) {
             int at = type;
@@ -2400,7 +2412,8 @@ public final class Overloadery {
         private boolean areBasesFirst;
         private int basesInLine;
 
-        Choice(TypeTable table, Hierarchy hierarchy, Templates templates, Bodies bodies, Functions functions, Call call) {
+        Choice(TypeTable table, Hierarchy hierarchy, Templates templates, Bodies bodies, Functions functions,
+                Call call) {
             this.table = table;
             this.hierarchy = hierarchy;
             this.templates = templates;
@@ -2471,9 +2484,9 @@ public final class Overloadery {
         }
 
         /**
-         * Goes through a type, the types in it, and those that are bases of these, each of which is queued once, until the
-         * base of one is needed. There may be more than there is room for, so that it ends as soon as nothing else can be
-         * found; and the bases of a type are either looked at ahead of all others, or when it is their turn.
+         * Goes through a type, the types in it, and those that are bases of these, each of which is queued once, until
+         * the base of one is needed. There may be more than there is room for, so that it ends as soon as nothing else
+         * can be found; and the bases of a type are either looked at ahead of all others, or when it is their turn.
          */
         private boolean needsBase(int name) {
             for (int i = 0; i < TypeTable.ROOM && walkedTo != NONE && lacks(name, classesBehind); i++) {
@@ -2573,8 +2586,8 @@ public final class Overloadery {
     }
 
     /**
-     * The methods that classes override, what their bodies do, the objects and blocks, and the trace of what is made and
-     * taken down.
+     * The methods that classes override, what their bodies do, the objects and blocks, and the trace of what is made
+     * and taken down.
      */
     private static final class Making {
         static final int TIMES = 99;
