@@ -13,6 +13,8 @@ public final class Overloadery {
     private final Hierarchy hierarchy;
     private final Templates templates;
     private final Bodies bodies;
+    private final Likeness likeness;
+    private final Search search;
     private final Functions functions;
     private final Call call;
     private final Choice choice;
@@ -23,15 +25,18 @@ public final class Overloadery {
         Hierarchy newHierarchy = new Hierarchy();
         Templates newTemplates = new Templates(newTable, newHierarchy);
         Bodies newBodies = new Bodies(newTable, newHierarchy, newTemplates);
+        Likeness newLikeness = new Likeness(newTable, newTemplates, newBodies);
         Functions newFunctions = new Functions(newTable);
         Call newCall = new Call(newTable, newHierarchy, newBodies, newFunctions);
         table = newTable;
         hierarchy = newHierarchy;
         templates = newTemplates;
         bodies = newBodies;
+        search = new Search(newTable, newBodies, newLikeness);
         functions = newFunctions;
         call = newCall;
-        choice = new Choice(newTable, newHierarchy, newTemplates, newBodies, newFunctions, newCall);
+        likeness = newLikeness;
+        choice = new Choice(newTable, newHierarchy, newTemplates, newBodies, newLikeness, newFunctions, newCall);
         making = new Making(newHierarchy);
     }
 
@@ -76,8 +81,7 @@ public final class Overloadery {
     public int baseOf(int type)
             throws IndexOutOfBoundsException, IllegalArgumentException, NoSuchElementException, IllegalStateException {
         needClosedInstance(type);
-        bodies.startAnew();
-        bodies.find(table.place(type));
+        findBody(type);
         int base = bodies.base(table.place(type));
         if (base == NONE) throw new NoSuchElementException();
         return needRoom(table.number(base));
@@ -85,8 +89,7 @@ public final class Overloadery {
 
     public int chosenFor(int type) throws IndexOutOfBoundsException, IllegalArgumentException {
         needClosedInstance(type);
-        bodies.startAnew();
-        bodies.find(table.place(type));
+        findBody(type);
         return bodies.body(table.place(type));
     }
 
@@ -179,11 +182,12 @@ public final class Overloadery {
         needType(base);
         if (isOpen(type) || isOpen(base)) throw new IllegalArgumentException();
         if (!hasBases(type) || !hasBases(base)) throw new IllegalArgumentException();
-        bodies.startAnew();
         int target = table.place(base);
+        startSearch(Search.LOOKS);
         int steps = bodies.steps(table.place(type), target, table.head(target));
         for (int i = 0; i < Call.MOST_NEEDED && bodies.needsOne(); i++) {
-            bodies.find(bodies.takeNeeded());
+            int needed = bodies.takeNeeded();
+            if (!search.finds(needed, Search.LOOKS)) search.answerAtLeast(needed);
             steps = bodies.steps(table.place(type), target, table.head(target));
         }
         if (steps == NONE) throw new NoSuchElementException();
@@ -235,19 +239,19 @@ public final class Overloadery {
     public int candidates(int namespace, int name) throws IndexOutOfBoundsException, IllegalArgumentException {
         needNamespace(namespace);
         needName(name);
-        choice.gather(namespace, name);
+        gather(namespace, name);
         return choice.count();
     }
 
     public boolean isViable(int function) throws IndexOutOfBoundsException {
         needFunction(function);
-        return call.settles(function);
+        return settles(function);
     }
 
     public int coming(int function, int argument) throws IndexOutOfBoundsException, IllegalStateException {
         needFunction(function);
         if (argument < 0 || argument >= call.count()) throw new IndexOutOfBoundsException();
-        if (!call.settles(function)) throw new IllegalStateException();
+        if (!settles(function)) throw new IllegalStateException();
         int way = call.wayOf(function, argument);
         return call.isSure(function, argument) ? way : -1 - way;
     }
@@ -257,7 +261,7 @@ public final class Overloadery {
             UnsupportedOperationException {
         needFunction(function);
         if (!isParameter(parameter)) throw new IndexOutOfBoundsException();
-        if (!call.settles(function)) throw new IllegalStateException();
+        if (!settles(function)) throw new IllegalStateException();
         int type = call.bound(parameter);
         if (type == NONE) throw new NoSuchElementException();
         int number = table.number(type);
@@ -268,9 +272,9 @@ public final class Overloadery {
     public int resolve(int namespace, int name) throws IndexOutOfBoundsException, IllegalArgumentException {
         needNamespace(namespace);
         needName(name);
-        choice.gather(namespace, name);
+        gather(namespace, name);
         for (int i = 0; i < functions.count(); i++) {
-            if (choice.has(i) && !call.settles(i)) choice.drop(i);
+            if (choice.has(i) && !settles(i)) choice.drop(i);
         }
         return choice.answer(choice.bestByWalks());
     }
@@ -278,9 +282,9 @@ public final class Overloadery {
     public int resolveAnew(int namespace, int name) throws IndexOutOfBoundsException, IllegalArgumentException {
         needNamespace(namespace);
         needName(name);
-        choice.gather(namespace, name);
+        gather(namespace, name);
         for (int i = 0; i < functions.count(); i++) {
-            if (choice.has(i) && !call.settles(i)) choice.drop(i);
+            if (choice.has(i) && !settles(i)) choice.drop(i);
         }
         return choice.answer(choice.bestByPairs());
     }
@@ -380,7 +384,7 @@ public final class Overloadery {
         if (all == 0) throw new ArithmeticException();
         int viable = 0;
         for (int i = 0; i < all; i++) {
-            if (call.settles(i)) viable++;
+            if (settles(i)) viable++;
         }
         return (float) viable / (float) all;
     }
@@ -393,6 +397,59 @@ public final class Overloadery {
             sum += hierarchy.allParts(i);
         }
         return (double) sum / (double) all;
+    }
+
+    // ---- how bodies are found for a call
+
+    /** Forgets what was found of bodies; from now on there are so many looks at instances. */
+    private void startSearch(int looks) {
+        templates.findEnds();
+        likeness.renew();
+        table.forgetPassing();
+        bodies.begin();
+        search.startAnew(looks);
+    }
+
+    private void findBody(int type) {
+        int place = table.place(type);
+        startSearch(Search.LOOKS);
+        if (!search.finds(place, Search.LOOKS)) search.answerAtLeast(place);
+    }
+
+    /** Whether a function is viable; how the arguments come to its parameters is known then. */
+    private boolean settles(int function) {
+        startSearch(Search.LOOKS);
+        boolean isViable = call.settles(function);
+        for (int i = 0; i < Call.MOST_NEEDED && bodies.needsOne(); i++) {
+            int type = bodies.takeNeeded();
+            if (!search.finds(type, Search.LOOKS)) search.answerAtLeast(type);
+            isViable = call.settles(function);
+        }
+        return isViable;
+    }
+
+    /** Finds the candidates of the call of a name. */
+    private void gather(int namespace, int name) {
+        choice.begin(namespace, name);
+        for (int i = 0; i < call.count(); i++) {
+            templates.findEnds();
+            templates.lookBehind(call.argument(i));
+            boolean isDone = false;
+            for (int way = 0; way < Choice.WAYS && !isDone; way++) {
+                boolean isLast = way == Choice.WAYS - 1;
+                startSearch(isLast ? Search.LOOKS : Search.FEW_LOOKS);
+                choice.beginWalk(call.argument(i), way);
+                for (int j = 0; j < TypeTable.ROOM && choice.goesOn() && !search.isSpent(); j++) {
+                    int needed = bodies.takeNeeded();
+                    int looks = choice.isLate() ? Search.LOOKS : Search.LEAST_LOOKS;
+                    if (search.finds(needed, looks)) continue;
+                    if (!choice.isLate()) choice.putOff();
+                    else if (isLast) search.answerAtLeast(needed);
+                    else break;
+                }
+                isDone = choice.isDone();
+            }
+        }
     }
 
     // ---- what the calls ask of their arguments
@@ -493,23 +550,38 @@ public final class Overloadery {
         static final int POINTER = 40;
         static final int SINGLE = 50;
         static final int TWOFOLD = 60;
+        /** No types: what stands for all pointers of a size, for all classes and instances, for all others. */
+        static final int LIKE_POINTER = 70;
+        static final int LIKE_CLASS = 71;
+        static final int LIKE_BASIC = 72;
+        static final int HEADS = 73;
 
         static final int NUMBERED = 150;
         static final int LARGEST = 30;
         /** No bound of the document: that of the room in which the program lives. */
-        static final int ROOM = 800_000;
+        static final int ROOM = 1_000_000;
 
-        /** What others note of a type during a search, 0 at first. */
-        static final int BODIES = 0;
-        static final int BASE = 1;
-        static final int LINK = 2;
-        static final int QUEUE = 3;
-        private static final int CHAIN = 4;
-        private static final int NOTES = 5;
+        /** What others note of a type during a search, 0 at first: the place of the bits in a row of longs. */
+        static final int BODY = 0;
+        static final int BASE = 21;
+        static final int LINK = 42;
+        static final int QUEUE = 64;
+        static final int ORIGIN = 85;
+        static final int NORM = 128;
+        private static final int NOTE = (1 << 21) - 1;
+        private static final int WORD_AT = 6;
 
-        /** The rows become longer twice, when there is no more room for what a base can take. */
+        /** The row of a type: its shape, three longs of notes, and on which guesses its body depends, as bits. */
+        private static final int NOTES = 1;
+        private static final int REASONS = 4;
+        /** Where it is noted which type is ahead of one in a chain. */
+        private static final int CHAINED = 2;
+        private static final int CHAINED_AT = 42;
+        private static final int ROW = 5;
+
+        /** The rows become more three times, when there may be no more room for a base. */
         private static final int FEW = 1 << 10;
-        private static final int SOME = 1 << 14;
+        private static final int MORE = 5;
         private static final int SPARE = 100;
         private static final int FEW_CHAINS = 1 << 11;
         private static final int MANY_CHAINS = 1 << 17;
@@ -525,12 +597,11 @@ public final class Overloadery {
         private static final int OPEN_AT = 12;
         private static final int FIRST_AT = 13;
         private static final int SECOND_AT = 33;
-        private static final int HEADS = (1 << SIZE_AT) - 1;
+        private static final int ALL_HEADS = (1 << SIZE_AT) - 1;
         private static final int SIZES = (1 << OPEN_AT - SIZE_AT) - 1;
         private static final int PLACES = (1 << SECOND_AT - FIRST_AT) - 1;
 
-        private long[] shapes = new long[FEW];
-        private int[] notes = new int[FEW * NOTES];
+        private long[] rows = new long[FEW * ROW];
         /** Of each chain of types the last one and 1; the one ahead of it is noted. */
         private int[] chains = new int[FEW_CHAINS];
         private int count;
@@ -540,7 +611,6 @@ public final class Overloadery {
         /** The types with a number once more, as rows, in which each type stands ahead of those that it is made of. */
         private final int[] tokens = new int[NUMBERED * LARGEST];
         private final int[] stack = new int[LARGEST + 1];
-        private final int[] otherStack = new int[LARGEST + 1];
 
         TypeTable() {
             for (int i = 0; i < BASIC; i++) {
@@ -563,8 +633,20 @@ public final class Overloadery {
             return head >= PARAMETER && head < POINTER;
         }
 
+        static boolean isLike(int head) {
+            return head >= LIKE_POINTER;
+        }
+
+        /** What stands for all types of the same kind, NONE for no type and for a parameter. */
+        static int likeHead(int head) {
+            if (head >= LIKE_POINTER) return head;
+            if (head >= SINGLE || head >= CLASS && head < PARAMETER) return LIKE_CLASS;
+            if (head == POINTER) return LIKE_POINTER;
+            return head >= 0 && head < BASIC ? LIKE_BASIC : NONE;
+        }
+
         static boolean isInstance(int head) {
-            return head >= SINGLE;
+            return head >= SINGLE && head < LIKE_POINTER;
         }
 
         static int templateOf(int head) {
@@ -598,39 +680,52 @@ public final class Overloadery {
             return count;
         }
 
+        /** Whether there may be no room for another base. */
         boolean isFull() {
-            return count >= ROOM;
+            return count + SPARE > ROOM;
         }
 
         /** What stands ahead in a type: what it is, and of which class or template; NONE for no type. */
         int head(int place) {
-            return place >= 0 && place < count ? ((int) shapes[place] & HEADS) - 1 : NONE;
+            return place >= 0 && place < count ? ((int) rows[place * ROW] & ALL_HEADS) - 1 : NONE;
         }
 
         /** The number of types in it, counting each one as often as it is there; 0 for no type. */
         int size(int place) {
-            return place >= 0 && place < count ? (int) (shapes[place] >> SIZE_AT) & SIZES : 0;
+            return place >= 0 && place < count ? (int) (rows[place * ROW] >> SIZE_AT) & SIZES : 0;
         }
 
         boolean isOpen(int place) {
-            return place >= 0 && place < count && (shapes[place] >> OPEN_AT & 1) == 1;
+            return place >= 0 && place < count && (rows[place * ROW] >> OPEN_AT & 1) == 1;
         }
 
         /** The first type that a type is made of, NONE if there is none. */
         int first(int place) {
-            return place >= 0 && place < count ? ((int) (shapes[place] >> FIRST_AT) & PLACES) - 1 : NONE;
+            return place >= 0 && place < count ? ((int) (rows[place * ROW] >> FIRST_AT) & PLACES) - 1 : NONE;
         }
 
         int second(int place) {
-            return place >= 0 && place < count ? ((int) (shapes[place] >> SECOND_AT) & PLACES) - 1 : NONE;
+            return place >= 0 && place < count ? ((int) (rows[place * ROW] >> SECOND_AT) & PLACES) - 1 : NONE;
         }
 
         int note(int place, int kind) {
-            return place >= 0 && place < count ? notes[place * NOTES + kind] : 0;
+            if (place < 0 || place >= count) return 0;
+            return (int) (rows[place * ROW + NOTES + (kind >> WORD_AT)] >> kind) & NOTE;
         }
 
         void setNote(int place, int kind, int value) {
-            if (place >= 0 && place < count) notes[place * NOTES + kind] = value;
+            if (place < 0 || place >= count) return;
+            int at = place * ROW + NOTES + (kind >> WORD_AT);
+            rows[at] = rows[at] & ~((long) NOTE << kind) | (long) value << kind;
+        }
+
+        /** The guesses on which the body of a type depends, as bits. */
+        long reasons(int place) {
+            return place >= 0 && place < count ? rows[place * ROW + REASONS] : 0;
+        }
+
+        void setReasons(int place, long reasons) {
+            if (place >= 0 && place < count) rows[place * ROW + REASONS] = reasons;
         }
 
         /** The type that is made of up to two types; NONE if it would be too large. */
@@ -645,57 +740,56 @@ public final class Overloadery {
             int chain = (int) (shape * SPREAD >>> SPREAD_AT) & chains.length - 1;
             int at = chains[chain] - 1;
             for (int i = 0; i < count && at >= 0; i++) {
-                if (shapes[at] == shape) return at;
-                at = notes[at * NOTES + CHAIN] - 1;
+                if (rows[at * ROW] == shape) return at;
+                at = (int) (rows[at * ROW + CHAINED] >>> CHAINED_AT) - 1;
             }
-            if (count >= shapes.length) return NONE;
-            shapes[count] = shape;
-            for (int i = 0; i < CHAIN; i++) {
-                notes[count * NOTES + i] = 0;
+            int row = count * ROW;
+            if (row + ROW > rows.length) return NONE;
+            for (int i = 0; i < ROW; i++) {
+                rows[row + i] = 0;
             }
-            notes[count * NOTES + CHAIN] = chains[chain];
+            rows[row] = shape;
+            rows[row + CHAINED] = (long) chains[chain] << CHAINED_AT;
             chains[chain] = ++count;
             return count - 1;
         }
 
-        /** Makes the rows longer if a base could be too much, and makes more chains if they have become long. */
+        private void clear(int place) {
+            for (int i = 0; i < ROW; i++) {
+                rows[place * ROW + i] = 0;
+            }
+        }
+
+        /** Makes the rows more if a base could be too much, and makes more chains if they have become long. */
         void makeRoom() {
-            if (count + SPARE > shapes.length && shapes.length < ROOM) {
-                int more = shapes.length < SOME ? SOME : ROOM;
-                shapes = Arrays.copyOf(shapes, more);
-                notes = Arrays.copyOf(notes, more * NOTES);
+            if ((count + SPARE) * ROW > rows.length && rows.length < ROOM * ROW) {
+                rows = Arrays.copyOf(rows, Math.min(rows.length << MORE, ROOM * ROW));
             }
             if (count <= chains.length * CROWD || chains.length >= MANY_CHAINS) return;
             chains = new int[chains.length * CROWD];
             for (int place = 0; place < count; place++) {
-                int chain = (int) (shapes[place] * SPREAD >>> SPREAD_AT) & chains.length - 1;
-                notes[place * NOTES + CHAIN] = chains[chain];
-                chains[chain] = place + 1;
+                putInChain(place);
             }
+        }
+
+        private void putInChain(int place) {
+            int chain = (int) (rows[place * ROW] * SPREAD >>> SPREAD_AT) & chains.length - 1;
+            int at = place * ROW + CHAINED;
+            rows[at] = rows[at] & (1L << CHAINED_AT) - 1 | (long) chains[chain] << CHAINED_AT;
+            chains[chain] = place + 1;
         }
 
         /** Forgets the passing types and all notes. */
         void forgetPassing() {
-            forgetSearch(lasting);
+            Arrays.fill(chains, 0);
+            count = Math.min(count, lasting);
             for (int place = 0; place < count; place++) {
-                notes[place * NOTES + QUEUE] = 0;
+                long shape = rows[place * ROW];
+                clear(place);
+                rows[place * ROW] = shape;
+                putInChain(place);
             }
             makeRoom();
-        }
-
-        /** Forgets the types behind so many, and what is noted of the bodies of the others. */
-        void forgetSearch(int left) {
-            for (int place = count - 1; place >= left; place--) {
-                // The last type is the last one of its chain.
-                int chain = (int) (shapes[place] * SPREAD >>> SPREAD_AT) & chains.length - 1;
-                chains[chain] = notes[place * NOTES + CHAIN];
-            }
-            count = Math.min(count, left);
-            for (int place = 0; place < count; place++) {
-                notes[place * NOTES + BODIES] = 0;
-                notes[place * NOTES + BASE] = 0;
-                notes[place * NOTES + LINK] = 0;
-            }
         }
 
         /** The number of a type, a new one if need be, which forgets the passing types; NONE if it can't have one. */
@@ -752,30 +846,6 @@ public final class Overloadery {
                 if (at == NONE && left > 0) at = stack[--left];
             }
             return all;
-        }
-
-        /** Which of two types comes first: the smaller one, or that whose row does; less than 0 for the first one. */
-        int compare(int own, int other) {
-            int size = size(own);
-            if (size != size(other)) return size - size(other);
-            int left = 0;
-            int at = own;
-            int otherAt = other;
-            for (int i = 0; i < size; i++) {
-                int difference = head(at) - head(otherAt);
-                if (difference != 0) return difference;
-                stack[left] = second(at);
-                otherStack[left] = second(otherAt);
-                if (stack[left] != NONE) left++;
-                at = first(at);
-                otherAt = first(otherAt);
-                if (at == NONE && left > 0) {
-                    left--;
-                    at = stack[left];
-                    otherAt = otherStack[left];
-                }
-            }
-            return 0;
         }
     }
 
@@ -870,7 +940,7 @@ public final class Overloadery {
         static final int TEMPLATES = 5;
         static final int EACH = 4;
         static final int MOST_CONSTRAINTS = 4;
-        private static final int ROW = 2;
+        static final int ROW = 2;
         private static final int FITTINGS = 1 << EACH;
         private static final int SETS = TEMPLATES * EACH + Functions.FUNCTIONS;
 
@@ -892,6 +962,13 @@ public final class Overloadery {
         private final int[] wanted = new int[SETS * PARAMETERS];
         /** For each number of steps, the classes at which the bases of an instance can end at most, as bits. */
         private final int[] ends = new int[(Bodies.STEPS + 1) * TEMPLATES];
+        /** For each number of steps by which an instance was come to, the classes to which it can lead at most, as bits. */
+        private final int[] led = new int[(Bodies.STEPS + 1) * TEMPLATES];
+        /** The classes to which a specialisation asks that something leads, as bits. */
+        private int allWanted;
+        /** The classes and templates that can be met by way of an instance, as bits. */
+        private final int[] behind = new int[TEMPLATES];
+        private int changes;
 
         Templates(TypeTable table, Hierarchy hierarchy) {
             this.table = table;
@@ -920,6 +997,11 @@ public final class Overloadery {
             return patterns[(template * EACH + specialisation) * ROW + at];
         }
 
+        /** How often something of the templates was changed. */
+        int changes() {
+            return changes;
+        }
+
         int base(int template, int body) {
             return bases[template * (EACH + 1) + body + 1];
         }
@@ -940,12 +1022,11 @@ public final class Overloadery {
 
         /** Whether what a parameter stands for is of the kind that the constraints ask for. */
         boolean suits(int set, int parameter, int head) {
-            boolean isBasic = TypeTable.isBasic(head);
-            boolean hasBases = TypeTable.isClass(head) || TypeTable.isInstance(head);
+            int like = TypeTable.likeHead(head);
             for (int i = set * MOST_CONSTRAINTS; i < set * MOST_CONSTRAINTS + constraintCounts[set]; i++) {
                 char letter = letters[i];
-                boolean isOfKind = letter == 'p' ? head == TypeTable.POINTER : letter == 'b' ? isBasic : hasBases;
-                if (constrained[i] == parameter && !isOfKind) return false;
+                int asked = letter == 'p' ? TypeTable.LIKE_POINTER : letter == 'b' ? TypeTable.LIKE_BASIC : TypeTable.LIKE_CLASS;
+                if (constrained[i] == parameter && like != asked) return false;
             }
             return true;
         }
@@ -953,6 +1034,16 @@ public final class Overloadery {
         /** The classes at which the bases of an instance can end at most by so many steps, as bits. */
         int ends(int template, int steps) {
             return ends[steps * TEMPLATES + template];
+        }
+
+        /** The classes to which an instance that was come to by some steps can lead at most, as bits. */
+        int led(int template, int step) {
+            return led[step * TEMPLATES + template];
+        }
+
+        /** The classes to which a specialisation asks that something leads, as bits. */
+        int allWanted() {
+            return allWanted;
         }
 
         /** The classes to which the type of a parameter must lead, as bits. */
@@ -982,6 +1073,7 @@ public final class Overloadery {
             int place = template * (EACH + 1) + body + 1;
             int before = bases[place];
             bases[place] = type;
+            changes++;
             return before;
         }
 
@@ -996,6 +1088,7 @@ public final class Overloadery {
         }
 
         void compareAll(int template) {
+            changes++;
             for (int own = 0; own < specialisations[template]; own++) {
                 for (int other = 0; other < specialisations[template]; other++) {
                     int ownPlace = place(template, own);
@@ -1019,7 +1112,7 @@ public final class Overloadery {
                 }
                 if (isFirst) return 1 << own;
             }
-            return fitting == 0 ? Possible.ITSELF_BIT : Possible.UNSURE_BIT;
+            return fitting == 0 ? Bodies.ITSELF_BIT : Bodies.UNSURE_BIT;
         }
 
         /** Whether one row of patterns, with a set of constraints, is more special than another one. */
@@ -1065,6 +1158,25 @@ public final class Overloadery {
                     ends[steps * TEMPLATES + i] = all;
                 }
             }
+            for (int step = 0; step < Bodies.STEPS; step++) {
+                for (int i = 0; i < count; i++) {
+                    led[step * TEMPLATES + i] = foundLed(i, step);
+                }
+            }
+            allWanted = 0;
+            for (int i = 0; i < TEMPLATES * EACH * PARAMETERS; i++) {
+                allWanted |= wanted[i];
+            }
+        }
+
+        private int foundLed(int template, int step) {
+            int all = 0;
+            for (int next = step + 1; next <= Bodies.STEPS; next++) {
+                for (int cls = 0; cls < hierarchy.count(); cls++) {
+                    if ((ends(template, next - step) >> cls & 1) == 1) all |= hierarchy.led(cls, next);
+                }
+            }
+            return all;
         }
 
         /** Whether a body can be chosen for any instance. */
@@ -1098,13 +1210,37 @@ public final class Overloadery {
             return isAny && first != second && constraintCounts[place(template, specialisation)] == 0;
         }
 
+        /**
+         * Finds what can be met by way of a type, or of any one if it is NONE, as bits.
+         */
+        void lookBehind(int type) {
+            int about = type == NONE ? (1 << Hierarchy.CLASSES + TEMPLATES) - 1 : table.contents(type);
+            for (int i = 0; i < TEMPLATES * (EACH + 1); i++) {
+                for (int template = 0; template < count; template++) {
+                    if (isIn(template, about)) about |= contentsOfBases(template, about);
+                }
+            }
+            for (int template = 0; template < count; template++) {
+                behind[template] = contentsOfBases(template, about);
+            }
+            for (int i = 0; i < TEMPLATES; i++) {
+                for (int template = 0; template < count; template++) {
+                    for (int other = 0; other < count; other++) {
+                        if (isIn(other, behind[template])) behind[template] |= behind[other];
+                    }
+                }
+            }
+        }
+
+        private static boolean isIn(int template, int contents) {
+            return (contents >> Hierarchy.CLASSES + template & 1) == 1;
+        }
+
         /** The classes that can be met by way of a type, its parts and its bases at most, as bits. */
         int classesBehind(int type) {
             int all = table.contents(type);
-            for (int i = 0; i < TEMPLATES * (EACH + 1); i++) {
-                for (int template = 0; template < count; template++) {
-                    if ((all >> Hierarchy.CLASSES + template & 1) == 1) all |= contentsOfBases(template, all);
-                }
+            for (int template = 0; template < count; template++) {
+                if (isIn(template, all)) all |= behind[template];
             }
             int found = 0;
             for (int cls = 0; cls < hierarchy.count(); cls++) {
@@ -1305,9 +1441,14 @@ public final class Overloadery {
         int allBases(int cls) {
             int all = 0;
             for (int base = 0; base <= cls; base++) {
-                if (steps(cls, base) != NONE) all |= 1 << base;
+                if (steps[cls * CLASSES + base] != NONE) all |= 1 << base;
             }
             return all;
+        }
+
+        /** The classes to which a class leads that was come to by some steps, as bits. */
+        int led(int cls, int step) {
+            return led[step * CLASSES + cls];
         }
 
         /** Whether a class that was come to by some steps leads to all these classes, which are bits. */
@@ -1417,32 +1558,27 @@ public final class Overloadery {
     }
 
     /**
-     * The bodies that instances can have, for all that is known of them: a set for each one, which shrinks. Whether a
-     * specialisation fits may depend on what other instances lead to, and so on what their bodies can be; of these,
-     * only those are looked at that matter.
+     * What is known of the bodies of instances, and what follows from it: which specialisations fit, the bases, and the
+     * steps to them.
      */
-    private static final class Possible {
-        /** The sets are bits: those of the specialisations, of the template itself, of no sure body. */
+    private static final class Bodies {
+        static final int ITSELF = -1;
+        static final int UNSURE = -2;
+        static final int STEPS = 6;
+        /** Bodies as bits: behind those of the specialisations that of the template itself, and no sure one. */
         static final int ITSELF_BIT = 1 << Templates.EACH;
         static final int UNSURE_BIT = 1 << Templates.EACH + 1;
-        /** How often a set can change: each time it shrinks, and once when it is forced. */
-        static final int CHANGES = Templates.EACH + 3;
-        /** What is told of a base that is not found yet. */
-        static final int UNKNOWN = -2;
-        private static final int BODIES = Templates.EACH + 2;
-        private static final int ANY = (1 << BODIES) - 1;
-        /** Noted of an instance for which there is no way, beside the set; behind it an answer is noted. */
-        private static final int FORCED = 1 << BODIES;
-        private static final int ANSWER_AT = BODIES + 1;
-        private static final int BLOCK = Templates.EACH + 1;
-        private static final int BLOCKS = 1 << 16;
-        private static final int FEW_BLOCKS = 64;
-        private static final int GROWTH = 8;
+        private static final int BITS = Templates.EACH + 2;
+        private static final int ALL = (1 << BITS) - 1;
+        /** Noted are the body that is known, behind it that which is an answer alone, and whether it can be any one. */
+        private static final int FOUND = ALL << BITS | ALL;
+        private static final int FREE = 1 << BITS + BITS;
+        private static final int MOST = Templates.EACH * PARAMETERS;
 
-        /** Whether something holds. */
-        private static final int NO = 1;
+        /** Whether a constraint holds. */
+        private static final int NO = 0;
+        private static final int OPEN = 1;
         private static final int YES = 2;
-        private static final int EITHER = NO | YES;
 
         /** The frames of bindings. */
         private static final int FITTING = 0;
@@ -1452,620 +1588,291 @@ public final class Overloadery {
         private final Hierarchy hierarchy;
         private final Templates templates;
         private final Bindings bindings;
-        /** The bases of instances for each of several bodies. */
-        private int[] blocks = new int[0];
-        private int blockCount;
-        private boolean isBrief;
-        private boolean isLastFirst;
-        /** What would tell more: an instance, or its base for a body, which are to be looked at first. */
+        private int looks;
         private int needed;
-        private int neededBody;
-        /** And those that are looked at, but open: one without a link, and the least link of the others. */
-        private int unlinked;
-        private int leastLink;
-        /** The same for each specialisation. */
-        private final int[] allNeeded = new int[Templates.EACH];
-        private final int[] allNeededBodies = new int[Templates.EACH];
-        private final int[] allUnlinked = new int[Templates.EACH];
-        private final int[] allLeastLinks = new int[Templates.EACH];
+        /** What the last look has told: the specialisations that fit, and those that may, as bits. */
+        private int template;
+        private int sure;
+        private int maybe;
+        private long reasons;
+        private long reasonsOfOne;
+        /** The instances without a body behind which it is open whether a specialisation fits; those that matter. */
+        private int stop;
+        private final int[] stops = new int[MOST];
+        private final int[] stopCounts = new int[Templates.EACH];
+        private int open;
+        private final int[] openStops = new int[MOST];
 
-        Possible(TypeTable table, Hierarchy hierarchy, Templates templates) {
+        Bodies(TypeTable table, Hierarchy hierarchy, Templates templates) {
             this.table = table;
             this.hierarchy = hierarchy;
             this.templates = templates;
             bindings = new Bindings(table, OF_BASE + 1);
         }
 
-        void startAnew() {
-            table.forgetPassing();
-            blockCount = 0;
+        /** The body that follows from what is known, or from guesses, as a bit; 0 if there is none yet. */
+        int known(int type) {
+            return table.note(type, TypeTable.BODY) & ALL;
         }
 
-        /** Forgets what was found, and the types behind so many. */
-        void forget(int left) {
-            table.forgetSearch(left);
-            blockCount = 0;
+        /** The body that was found, whether something follows from it or not; 0 if there is none yet. */
+        int found(int type) {
+            int note = table.note(type, TypeTable.BODY);
+            return (note & ALL) != 0 ? note & ALL : note >> BITS & ALL;
         }
 
-        /** The set of an instance, empty as long as it is not explored. */
-        int set(int type) {
-            return table.note(type, TypeTable.BODIES) & ANY;
+        /** Lets an instance have a body from which other ones follow. */
+        void know(int type, int body) {
+            table.setNote(type, TypeTable.BODY, table.note(type, TypeTable.BODY) & ~ALL | body);
+            putBase(type, body);
         }
 
-        boolean isForced(int type) {
-            return (table.note(type, TypeTable.BODIES) & FORCED) != 0;
+        /** Takes such a body away. */
+        void forget(int type) {
+            int note = table.note(type, TypeTable.BODY) & ~ALL;
+            table.setNote(type, TypeTable.BODY, note);
+            table.setNote(type, TypeTable.BASE, 0);
         }
 
-        void change(int type, int set, boolean isForced) {
-            int answer = table.note(type, TypeTable.BODIES) >> ANSWER_AT << ANSWER_AT;
-            table.setNote(type, TypeTable.BODIES, answer | (isForced ? FORCED : 0) | set);
+        /** Lets an instance have the body of what stands for all that are like it; its own base is not needed for that. */
+        void share(int type) {
+            int body = known(table.note(type, TypeTable.NORM) - 1);
+            table.setNote(type, TypeTable.BODY, table.note(type, TypeTable.BODY) & ~ALL | body);
         }
 
-        /** The body that was found, as a set of one, empty if there is none yet. */
-        int answer(int type) {
-            return table.note(type, TypeTable.BODIES) >> ANSWER_AT;
+        /** Finds the base of an instance whose body was found. */
+        void complete(int type) {
+            if (table.note(type, TypeTable.BASE) == 0) putBase(type, found(type));
         }
 
-        void putAnswer(int type, int answer) {
-            table.setNote(type, TypeTable.BODIES, answer << ANSWER_AT | set(type));
+        /** Lets an instance have a body from which nothing follows for other ones. */
+        void answer(int type, int body) {
+            table.setNote(type, TypeTable.BODY, table.note(type, TypeTable.BODY) & ~(ALL << BITS) | body << BITS);
+            putBase(type, found(type));
         }
 
-        /** The base of an instance, NONE if it has none; UNKNOWN if it is not found yet. */
-        int base(int type) {
-            int note = table.note(type, TypeTable.BASE);
-            int answer = table.note(type, TypeTable.BODIES) >> ANSWER_AT;
-            if (answer == 0) return UNKNOWN;
-            for (int i = 0; i < BLOCK && note < 0; i++) {
-                if (answer == 1 << i) return blocks[i - 1 - note] - 2;
-            }
-            return answer == UNSURE_BIT ? NONE : note - 2;
+        /** Lets an instance have whatever body, as there is no way to choose it. */
+        void free(int type) {
+            table.setNote(type, TypeTable.BODY, table.note(type, TypeTable.BODY) | FREE);
         }
 
-        /** An open instance without a link on which the bodies depend of the one that was looked at, NONE for none. */
-        int unlinked() {
-            return unlinked;
+        boolean isFree(int type) {
+            return (table.note(type, TypeTable.BODY) & FREE) != 0;
         }
 
-        /** The least link of those on which they depend. */
-        int leastLink() {
-            return leastLink;
-        }
-
-        /**
-         * Looks at an instance, and first at those on which its bodies depend, as far as can be told; at the first or
-         * the last one of these first.
-         */
-        void explore(int first, boolean isBackwards) {
-            isLastFirst = isBackwards;
-            change(first, ANY, false);
-            table.setNote(first, TypeTable.LINK, 1);
-            int top = first;
-            for (int i = 0; i < 4 * TypeTable.ROOM && top != NONE; i++) {
-                int set = set(top) & lookAt(top, false);
-                change(top, set, false);
-                boolean isSettled = Integer.bitCount(set) == 1;
-                if (isSettled || needed == NONE) {
-                    if (isSettled) putBase(top, set);
-                    int below = table.note(top, TypeTable.LINK) - 2;
-                    table.setNote(top, TypeTable.LINK, 0);
-                    top = below;
-                } else if (neededBody != 0) {
-                    putBase(needed, neededBody);
-                } else {
-                    change(needed, ANY, false);
-                    table.setNote(needed, TypeTable.LINK, top + 2);
-                    top = needed;
-                }
-            }
-        }
-
-        /** Finds the base of an instance for one of its bodies, which is told as a set of one. */
-        void putBase(int type, int body) {
-            table.makeRoom();
+        private void putBase(int type, int body) {
             int template = TypeTable.templateOf(table.head(type));
             int at = 0;
-            while (at < BLOCK && body != 1 << at) {
+            while (at < Templates.EACH && body != 1 << at) {
                 at++;
             }
-            int told = at < BLOCK ? templates.base(template, at < Templates.EACH ? at : Bodies.ITSELF) : NONE;
+            boolean isItself = at == Templates.EACH;
             bindings.empty(OF_BASE);
-            if (at < Templates.EACH) {
-                bindings.matches(OF_BASE, templates.pattern(template, at, 0), table.first(type));
-                bindings.matches(OF_BASE, templates.pattern(template, at, 1), table.second(type));
-            } else {
+            if (isItself) {
                 bindings.stand(OF_BASE, 0, table.first(type));
                 bindings.stand(OF_BASE, 1, table.second(type));
+            } else {
+                bindings.matches(OF_BASE, templates.pattern(template, at, 0), table.first(type));
+                bindings.matches(OF_BASE, templates.pattern(template, at, 1), table.second(type));
             }
+            int told = body == UNSURE_BIT ? NONE : templates.base(template, isItself ? ITSELF : at);
             int base = told == NONE ? NONE : bindings.replaced(OF_BASE, told);
-            int note = table.note(type, TypeTable.BASE);
-            if (note == 0) {
-                boolean isOnlyOne = body == set(type);
-                note = isOnlyOne ? base + 2 : newBlock();
-                table.setNote(type, TypeTable.BASE, note);
-            }
-            if (note < 0 && at < BLOCK) blocks[at - 1 - note] = base + 2;
+            table.setNote(type, TypeTable.BASE, base + 2);
         }
 
-        /** What is noted for a new block of bases; without room, it is as if there were none. */
-        private int newBlock() {
-            if (blockCount >= BLOCKS) return 1;
-            int start = blockCount++ * BLOCK;
-            if (start + BLOCK > blocks.length) {
-                int more = Math.max(blocks.length * GROWTH, FEW_BLOCKS * BLOCK);
-                blocks = Arrays.copyOf(blocks, Math.min(more, BLOCKS * BLOCK));
-            }
-            for (int i = 0; i < BLOCK; i++) {
-                blocks[start + i] = 0;
-            }
-            return -1 - start;
+        private boolean matches(int type, int specialisation) {
+            bindings.empty(FITTING);
+            return bindings.matches(FITTING, templates.pattern(template, specialisation, 0), table.first(type))
+                    && bindings.matches(FITTING, templates.pattern(template, specialisation, 1), table.second(type));
         }
 
-        /**
-         * The bodies that an instance can have, for what is known of others; and what would tell more, unless in brief.
-         */
-        int lookAt(int type, boolean isInBrief) {
-            isBrief = isInBrief;
-            int template = TypeTable.templateOf(table.head(type));
-            int sure = 0;
-            int maybe = 0;
+        /** How often instances were looked at. */
+        int looks() {
+            return looks;
+        }
+
+        /** The bodies that an instance can have, for what is known of others, as bits. */
+        int look(int type) {
+            looks++;
+            template = TypeTable.templateOf(table.head(type));
+            sure = 0;
+            maybe = 0;
+            reasons = 0;
             for (int i = 0; i < templates.specialisations(template); i++) {
-                beginFit();
-                int set = Templates.place(template, i);
-                bindings.empty(FITTING);
-                boolean isMatching = bindings.matches(FITTING, templates.pattern(template, i, 0), table.first(type))
-                        && bindings.matches(FITTING, templates.pattern(template, i, 1), table.second(type));
-                int fit = isMatching ? YES : NO;
-                for (int j = 0; j < PARAMETERS && fit != NO; j++) {
-                    if (!templates.suits(set, j, table.head(bindings.type(FITTING, j)))) fit = NO;
-                }
-                for (int j = 0; j < PARAMETERS && fit != NO; j++) {
-                    int classes = templates.wanted(set, j);
-                    int leads = classes == 0 ? YES : leads(bindings.type(FITTING, j), classes, 0);
-                    if (leads != YES) fit = leads;
-                }
-                if (fit == YES) sure |= 1 << i;
-                if (fit == EITHER) maybe |= 1 << i;
-                endFit(i);
+                stopCounts[i] = 0;
+                int fits = matches(type, i) ? fits(i) : NO;
+                if (fits == YES) sure |= 1 << i;
+                if (fits == OPEN) maybe |= 1 << i;
             }
-            return combined(template, sure, maybe);
+            open = 0;
+            return maybe == 0 ? templates.chosen(template, sure) : combined();
         }
 
-        private void beginFit() {
-            needed = NONE;
-            neededBody = 0;
-            unlinked = NONE;
-            leastLink = Integer.MAX_VALUE;
+        /** Whether the constraints of a specialisation hold. */
+        private int fits(int specialisation) {
+            int set = Templates.place(template, specialisation);
+            for (int i = 0; i < PARAMETERS; i++) {
+                if (!templates.suits(set, i, table.head(bindings.type(FITTING, i)))) return NO;
+            }
+            long all = 0;
+            for (int i = 0; i < PARAMETERS; i++) {
+                int classes = templates.wanted(set, i);
+                if (classes == 0) continue;
+                int leads = leads(bindings.type(FITTING, i), classes);
+                if (leads == OPEN) stops[specialisation * PARAMETERS + stopCounts[specialisation]++] = stop;
+                if (leads == NO) reasons |= reasonsOfOne;
+                if (leads == NO) return NO;
+                all |= reasonsOfOne;
+            }
+            if (stopCounts[specialisation] > 0) return OPEN;
+            reasons |= all;
+            return YES;
         }
 
-        private void endFit(int specialisation) {
-            allNeeded[specialisation] = needed;
-            allNeededBodies[specialisation] = neededBody;
-            allUnlinked[specialisation] = unlinked;
-            allLeastLinks[specialisation] = leastLink;
+        /** Whether a type leads to all these classes, which are bits. */
+        private int leads(int type, int classes) {
+            reasonsOfOne = 0;
+            int at = type;
+            for (int step = 0; step <= STEPS; step++) {
+                int head = table.head(at);
+                if (TypeTable.isClass(head)) {
+                    return (classes & ~hierarchy.led(head - TypeTable.CLASS, step)) == 0 ? YES : NO;
+                }
+                if (TypeTable.isLike(head)) return (classes & ~table.first(at)) == 0 ? YES : NO;
+                if (!TypeTable.isInstance(head) || step == STEPS) return NO;
+                if ((classes & ~templates.led(TypeTable.templateOf(head), step)) != 0) return NO;
+                if ((table.note(at, TypeTable.BODY) & ALL) == 0) {
+                    stop = at;
+                    return OPEN;
+                }
+                reasonsOfOne |= table.reasons(at);
+                int base = table.note(at, TypeTable.BASE);
+                at = (base != 0 ? base : table.note(table.note(at, TypeTable.NORM) - 1, TypeTable.BASE)) - 2;
+            }
+            return NO;
         }
 
-        /**
-         * The bodies that can be chosen if some specialisations fit and others may; what would tell more is that of
-         * these.
-         */
-        private int combined(int template, int sure, int maybe) {
-            int found = 0;
+        /** The bodies that can be chosen if some specialisations fit and others may; and what would tell more. */
+        private int combined() {
+            int all = 0;
             int mattering = 0;
-            for (int more = 0; more < 1 << Templates.EACH; more++) {
+            for (int more = 0; more <= maybe; more++) {
                 if ((more & ~maybe) != 0) continue;
                 int chosen = templates.chosen(template, sure | more);
-                found |= chosen;
+                all |= chosen;
                 for (int i = 0; i < Templates.EACH; i++) {
-                    int bit = 1 << i & maybe & ~more;
-                    if (bit != 0 && templates.chosen(template, sure | more | bit) != chosen) mattering |= bit;
+                    int one = 1 << i & maybe & ~more;
+                    if (one != 0 && templates.chosen(template, sure | more | one) != chosen) mattering |= one;
                 }
             }
-            beginFit();
             for (int i = 0; i < Templates.EACH; i++) {
-                if ((mattering >> i & 1) == 0) continue;
-                if (allNeeded[i] != NONE) need(allNeeded[i], allNeededBodies[i]);
-                if (unlinked == NONE) unlinked = allUnlinked[i];
-                leastLink = Math.min(leastLink, allLeastLinks[i]);
-            }
-            return found;
-        }
-
-        private void need(int type, int body) {
-            if (needed != NONE && !isLastFirst) return;
-            needed = type;
-            neededBody = body;
-        }
-
-        /** Whether a type that was come to by so many steps leads to all these classes, for the bodies that can be. */
-        private int leads(int type, int classes, int step) {
-            int head = table.head(type);
-            if (TypeTable.isClass(head)) return hierarchy.leads(head - TypeTable.CLASS, classes, step) ? YES : NO;
-            if (!TypeTable.isInstance(head) || step >= Bodies.STEPS) return NO;
-            int ends = templates.ends(TypeTable.templateOf(head), Bodies.STEPS - step);
-            if (!hierarchy.oneLeads(ends, classes, step + 1)) return NO;
-            int set = table.note(type, TypeTable.BODIES) & ANY;
-            if (set == 0) {
-                need(type, 0);
-                return EITHER;
-            }
-            int note = table.note(type, TypeTable.BASE);
-            int answer = (set & UNSURE_BIT) == 0 ? 0 : NO;
-            for (int i = 0; i < BLOCK && (answer != EITHER || !isBrief); i++) {
-                if ((set >> i & 1) == 0) continue;
-                int base = note < 0 ? blocks[i - 1 - note] : note;
-                boolean isNew = base > 1;
-                for (int j = 0; j < i && note < 0; j++) {
-                    if ((set >> j & 1) == 1 && blocks[j - 1 - note] == base) isNew = false;
-                }
-                if (base == 0) need(type, 1 << i);
-                if (isNew) answer |= leads(base - 2, classes, step + 1);
-                else if (base < 2) answer |= base == 0 ? EITHER : NO;
-            }
-            if (answer == EITHER && Integer.bitCount(set) > 1) {
-                int link = table.note(type, TypeTable.LINK);
-                if (link != 0) leastLink = Math.min(leastLink, link);
-                else if (unlinked == NONE) unlinked = type;
-            }
-            return answer;
-        }
-    }
-
-    /**
-     * Chooses the bodies of instances that ask for one another in circles, so that each one is as the others have it.
-     * Where just one body goes with that for an instance, this is it. The document is silent about several ones, of
-     * which it is the first one in an order that is always the same, and that goes with all types that have a number;
-     * and about none, where the bodies in the circle are not sure. What is chosen for the others is forgotten then, so
-     * that an answer does not depend on what was asked for before.
-     */
-    private static final class Circles {
-        /** How many instances can be gathered, and how often they are looked at. */
-        private static final int MOST = 1 << 13;
-        private static final int LOOKS = 1 << 20;
-        private static final int FEW_LOOKS = 1 << 16;
-        private static final int DONE = Integer.MAX_VALUE;
-
-        private final TypeTable table;
-        private final Possible possible;
-        /** Those that were come to and are in no circle yet, each with the height of the one that led to it. */
-        private int[] stack = new int[0];
-        private int[] origins = new int[0];
-        private int height;
-        /** The circles one behind the other, each behind those on which it depends, and where each ends. */
-        private int[] order = new int[0];
-        private int[] ends = new int[0];
-        private int gathered;
-        private int circles;
-        /** The sets that were changed, as they were before. */
-        private int[] changed = new int[0];
-        private int[] before = new int[0];
-        private int changes;
-        /** The instances for which a body is tried, the bodies left to try, and the changes ahead of that. */
-        private int[] tried = new int[0];
-        private int[] untried = new int[0];
-        private int[] starts = new int[0];
-        private int levels;
-        private int looksLeft;
-
-        Circles(TypeTable table, Possible possible) {
-            this.table = table;
-            this.possible = possible;
-        }
-
-        /**
-         * The body of an instance that was explored and is not settled by that, as a set of one. If it could have
-         * others, all types with a number are taken into account.
-         */
-        int settled(int type) {
-            begin();
-            int answer = 0;
-            boolean hasOthers = true;
-            for (int round = 0; round < 2 && hasOthers; round++) {
-                boolean isWide = round == 1;
-                for (int i = 0; i < table.numbered() && isWide; i++) {
-                    int other = table.place(i);
-                    boolean isClosed = TypeTable.isInstance(table.head(other)) && !table.isOpen(other);
-                    if (isClosed && possible.set(other) == 0 && !table.isFull()) possible.explore(other, false);
-                }
-                gather(type, isWide);
-                narrowForGood();
-                gather(type, isWide);
-                int forced = 0;
-                int at = 0;
-                for (int i = 0; i < LOOKS && at < circles; i++) {
-                    boolean hasWay = findsWay(start(at), ends[at], LOOKS);
-                    if (!hasWay) undo(forced);
-                    hasWay = hasWay || at > 0 && findsWay(0, ends[at], FEW_LOOKS);
-                    if (!hasWay) forced = force(at);
-                    at = hasWay ? at + 1 : 0;
-                }
-                answer = possible.set(type);
-                undo(0);
-                int others = possible.set(type) & ~answer;
-                hasOthers = others != 0 && forced == 0;
-                if (hasOthers) {
-                    change(type, others, false);
-                    hasOthers = findsWay(0, gathered, FEW_LOOKS);
-                    undo(0);
+                for (int j = 0; j < stopCounts[i] && (mattering >> i & 1) == 1; j++) {
+                    openStops[open++] = stops[i * PARAMETERS + j];
                 }
             }
-            return Integer.bitCount(answer) == 1 ? answer : Possible.UNSURE_BIT;
+            return all;
         }
 
-        /** Circles are rare, so that the rows are made for the first one. */
-        private void begin() {
-            looksLeft = LOOKS;
-            changes = 0;
-            if (stack.length > 0) return;
-            stack = new int[MOST];
-            origins = new int[MOST];
-            order = new int[MOST];
-            ends = new int[MOST];
-            changed = new int[MOST * Possible.CHANGES];
-            before = new int[MOST * Possible.CHANGES];
-            tried = new int[MOST];
-            untried = new int[MOST];
-            starts = new int[MOST];
+        /** The guesses from which follows what the last look has told, as bits. */
+        long reasons() {
+            return reasons;
         }
 
-        /**
-         * Gathers those that are open and on which an instance depends, circle by circle, and, if so told, those on
-         * which the types with a number depend. A link tells the lowest height to which one leads, from 1 on.
-         */
-        private void gather(int type, boolean isWide) {
-            height = 0;
-            gathered = 0;
-            circles = 0;
-            for (int root = NONE; root < (isWide ? table.numbered() : 0); root++) {
-                int at = enter(root == NONE ? type : table.place(root), NONE);
-                for (int i = 0; i < 2 * MOST && at != NONE; i++) {
-                    possible.lookAt(stack[at], false);
-                    int next = enter(possible.unlinked(), at);
-                    if (next == NONE) {
-                        next = origins[at];
-                        if (isFirstOfCircle(at)) putCircle(at);
-                    }
-                    at = next;
-                }
-            }
-            for (int i = 0; i < gathered; i++) {
-                table.setNote(order[i], TypeTable.LINK, 0);
-            }
-            for (int i = 0; i < height; i++) {
-                table.setNote(stack[i], TypeTable.LINK, 0);
-            }
+        /** How many instances without a body would tell more in the last look. */
+        int open() {
+            return open;
         }
 
-        /**
-         * The height of an instance that is open and was not come to before; NONE for others, or if there is no room.
-         */
-        private int enter(int type, int origin) {
-            boolean isNew = Integer.bitCount(possible.set(type)) > 1 && table.note(type, TypeTable.LINK) == 0;
-            if (!isNew || gathered + height >= MOST) return NONE;
-            stack[height] = type;
-            origins[height] = origin;
-            table.setNote(type, TypeTable.LINK, height + 1);
-            return height++;
+        int openStop(int at) {
+            return openStops[at];
         }
 
-        /** Whether nothing behind an instance leads to what was come to ahead of it. */
-        private boolean isFirstOfCircle(int at) {
-            int least = Math.min(table.note(stack[at], TypeTable.LINK), possible.leastLink());
-            table.setNote(stack[at], TypeTable.LINK, least);
-            return least == at + 1;
+        /** The body that the last look has told, if what is open does not hold. */
+        int chosenAtLeast() {
+            return templates.chosen(template, sure);
         }
 
-        private void putCircle(int from) {
-            int start = gathered;
-            for (int i = from; i < height; i++) {
-                table.setNote(stack[i], TypeTable.LINK, DONE);
-                int at = gathered++;
-                while (at > start && table.compare(order[at - 1], stack[i]) > 0) {
-                    order[at] = order[at - 1];
-                    at--;
-                }
-                order[at] = stack[i];
-            }
-            height = from;
-            ends[circles++] = gathered;
-        }
-
-        private int start(int circle) {
-            return circle > 0 ? ends[circle - 1] : 0;
-        }
-
-        /** Takes away the bodies that do not go with any of the others. */
-        private void narrowForGood() {
-            int unchanged = 0;
-            int at = 0;
-            for (int i = 0; i < LOOKS && unchanged < gathered; i++) {
-                int old = possible.set(order[at]);
-                int set = old & possible.lookAt(order[at], true);
-                possible.change(order[at], set, false);
-                unchanged = set == old ? unchanged + 1 : 0;
-                at = at + 1 < gathered ? at + 1 : 0;
-            }
-        }
-
-        /** Leaves the bodies of a circle unsure, as there is no way; tells how many changes there are then. */
-        private int force(int circle) {
-            for (int i = start(circle); i < ends[circle]; i++) {
-                change(order[i], Possible.UNSURE_BIT, true);
-            }
-            return changes;
-        }
-
-        /**
-         * Chooses bodies from one place of the order to another one, so that they go with one another, by trying, and
-         * by taking away what does not go with those chosen. Changes nothing if there is no way.
-         */
-        private boolean findsWay(int from, int to, int most) {
-            int atFirst = changes;
-            int least = Math.max(0, looksLeft - most);
-            int unchanged = 0;
-            int at = from;
-            levels = 0;
-            for (int i = 0; i < LOOKS && looksLeft > least; i++) {
-                looksLeft--;
-                if (unchanged >= to - from) {
-                    int open = firstOpen(from, to);
-                    if (open == NONE) return true;
-                    beginLevel(open);
-                    change(open, nextBody(), false);
-                    unchanged = 0;
-                }
-                int type = order[at];
-                int old = possible.set(type);
-                int set = possible.isForced(type) ? old : old & possible.lookAt(type, true);
-                if (set == 0) {
-                    if (!hasUntried()) break;
-                    undo(starts[levels - 1]);
-                    change(tried[levels - 1], nextBody(), false);
-                } else if (set != old) {
-                    change(type, set, false);
-                }
-                unchanged = set == old ? unchanged + 1 : 0;
-                at = at + 1 < to ? at + 1 : from;
-            }
-            undo(atFirst);
-            return false;
-        }
-
-        private int firstOpen(int from, int to) {
-            for (int i = from; i < to; i++) {
-                if (Integer.bitCount(possible.set(order[i])) > 1) return order[i];
-            }
-            return NONE;
-        }
-
-        private void beginLevel(int type) {
-            tried[levels] = type;
-            untried[levels] = possible.set(type);
-            starts[levels] = changes;
-            levels++;
-        }
-
-        /** Goes back to the last instance for which there is a body left to try; tells whether there is one. */
-        private boolean hasUntried() {
-            while (levels > 0 && untried[levels - 1] == 0) {
-                levels--;
-            }
-            return levels > 0;
-        }
-
-        /** The next body to try, that of the template itself first, no sure body last. */
-        private int nextBody() {
-            int left = untried[levels - 1];
-            int body = (left & Possible.ITSELF_BIT) != 0 ? Possible.ITSELF_BIT : left & -left;
-            untried[levels - 1] = left & ~body;
-            return body;
-        }
-
-        private void change(int type, int set, boolean isForced) {
-            if (changes >= changed.length) return;
-            changed[changes] = type;
-            before[changes] = possible.set(type);
-            changes++;
-            possible.change(type, set, isForced);
-        }
-
-        /** Gives back what was changed behind so many changes. */
-        private void undo(int left) {
-            while (changes > left) {
-                changes--;
-                possible.change(changed[changes], before[changes], false);
-            }
-        }
-    }
-
-    /** Which body and base an instance has, and what it leads to. */
-    private static final class Bodies {
-        static final int ITSELF = -1;
-        static final int UNSURE = -2;
-        static final int STEPS = 6;
-        private static final int RETRIES = 3;
-
-        private final TypeTable table;
-        private final Hierarchy hierarchy;
-        private final Templates templates;
-        private final Possible possible;
-        private final Circles circles;
-        private int needed;
-        private int retries;
-
-        Bodies(TypeTable table, Hierarchy hierarchy, Templates templates) {
-            this.table = table;
-            this.hierarchy = hierarchy;
-            this.templates = templates;
-            possible = new Possible(table, hierarchy, templates);
-            circles = new Circles(table, possible);
-        }
-
-        /** To be called ahead of each search, as templates or classes may have changed. */
-        void startAnew() {
-            possible.startAnew();
-            templates.findEnds();
+        /** From now on nothing is needed. */
+        void begin() {
             needed = NONE;
-            retries = 0;
         }
 
-        /** Whether an instance is to be found first for what was asked for. */
+        /** Whether the body of an instance is to be found first for what was asked for. */
         boolean needsOne() {
             return needed != NONE;
         }
 
-        /** The instance that is to be found first, NONE if there is none; it is forgotten then. */
+        /** The instance whose body is to be found first, NONE if there is none; it is forgotten then. */
         int takeNeeded() {
             int type = needed;
             needed = NONE;
             return type;
         }
 
-        /**
-         * Finds the body and the base of an instance. There may be more types than there is room for, though they do
-         * not matter: then it begins with others, and if it is so once more, it leaves the room to what comes later.
-         */
-        void find(int type) {
-            int room = table.count();
-            boolean isAgain = false;
-            for (int i = 0; i < 2 && possible.set(type) == 0; i++) {
-                possible.explore(type, isAgain);
-                if (table.isFull() && i == 0 && retries < RETRIES) {
-                    retries++;
-                    isAgain = true;
-                    possible.forget(room);
-                }
-            }
-            int set = possible.set(type);
-            int answer = Integer.bitCount(set) == 1 ? set : circles.settled(type);
-            if (table.isFull() && isAgain) {
-                possible.forget(room);
-                possible.change(type, answer, false);
-            }
-            possible.putAnswer(type, answer);
-            possible.putBase(type, answer);
-        }
-
         /** The specialisation that an instance that was found has as its body, ITSELF or UNSURE. */
         int body(int type) {
-            int answer = possible.answer(type);
+            int body = found(type);
             for (int i = 0; i < Templates.EACH; i++) {
-                if (answer == 1 << i) return i;
+                if (body == 1 << i) return i;
             }
-            return answer == Possible.ITSELF_BIT ? ITSELF : UNSURE;
+            return body == ITSELF_BIT ? ITSELF : UNSURE;
         }
 
         /** The base of an instance, NONE if it has none, or if it is needed to find it first. */
         int base(int type) {
-            int base = possible.base(type);
-            if (base == Possible.UNKNOWN && needed == NONE) needed = type;
-            return base == Possible.UNKNOWN ? NONE : base;
+            int base = table.note(type, TypeTable.BASE);
+            if (base == 0 && needed == NONE) needed = type;
+            return base == 0 ? NONE : base - 2;
+        }
+
+        /** Whether it is known to what a type leads; if not, one without a body is where the way stops. */
+        boolean isLedKnown(int type) {
+            looks++;
+            int at = type;
+            for (int step = 0; step < STEPS; step++) {
+                int head = table.head(at);
+                boolean mayLead = TypeTable.isInstance(head)
+                        && (templates.led(TypeTable.templateOf(head), step) & templates.allWanted()) != 0;
+                if (!mayLead) return true;
+                stop = at;
+                if ((table.note(at, TypeTable.BODY) & ALL) == 0) return false;
+                int base = table.note(at, TypeTable.BASE);
+                at = (base != 0 ? base : table.note(table.note(at, TypeTable.NORM) - 1, TypeTable.BASE)) - 2;
+            }
+            return true;
+        }
+
+        /** The last one at which a way stopped. */
+        int stop() {
+            return stop;
+        }
+
+        /** The classes to which a type leads and for which a specialisation asks, as bits, unless a body is needed first. */
+        int led(int type) {
+            int at = type;
+            for (int step = 0; step <= STEPS; step++) {
+                int head = table.head(at);
+                if (TypeTable.isLike(head)) return table.first(at);
+                if (TypeTable.isClass(head)) return hierarchy.led(head - TypeTable.CLASS, step) & templates.allWanted();
+                if (!TypeTable.isInstance(head) || step == STEPS) return 0;
+                if ((templates.led(TypeTable.templateOf(head), step) & templates.allWanted()) == 0) return 0;
+                if ((table.note(at, TypeTable.BODY) & FOUND) == 0) {
+                    if (needed == NONE) needed = at;
+                    return 0;
+                }
+                int base = table.note(at, TypeTable.BASE);
+                at = (base != 0 ? base : table.note(table.note(at, TypeTable.NORM) - 1, TypeTable.BASE)) - 2;
+            }
+            return 0;
         }
 
         /** Whether the constraints of a set hold for what the parameters stand for. */
         boolean areMet(Bindings standing, int frame, int set) {
             for (int i = 0; i < PARAMETERS; i++) {
+                if (!templates.suits(set, i, table.head(standing.type(frame, i)))) return false;
+            }
+            for (int i = 0; i < PARAMETERS; i++) {
                 int type = standing.type(frame, i);
-                if (!templates.suits(set, i, table.head(type))) return false;
                 for (int cls = 0; cls < hierarchy.count(); cls++) {
                     boolean isWanted = (templates.wanted(set, i) >> cls & 1) == 1;
                     if (isWanted && steps(type, NONE, TypeTable.CLASS + cls) < 0) return false;
@@ -2085,14 +1892,19 @@ public final class Overloadery {
                 int head = table.head(at);
                 if (TypeTable.isClass(head)) return classSteps(head, targetHead, step);
                 if (!TypeTable.isInstance(head) || step == STEPS) return NONE;
-                int base = possible.base(at);
-                if (base == Possible.UNKNOWN && needed == NONE) needed = at;
-                at = base == Possible.UNKNOWN ? NONE : base;
+                if (found(at) == 0 && !mayLead(head, targetHead, step)) return NONE;
+                at = base(at);
             }
             return NONE;
         }
 
-        /** The same from a class that was come to by some steps. */
+        /** Whether an instance that was come to by some steps may lead to what is asked for. */
+        private boolean mayLead(int head, int target, int step) {
+            if (!TypeTable.isClass(target)) return true;
+            return (templates.led(TypeTable.templateOf(head), step) >> target - TypeTable.CLASS & 1) == 1;
+        }
+
+        /** The same as steps, from a class that was come to by some steps. */
         private int classSteps(int head, int target, int step) {
             if (!TypeTable.isClass(target)) return NONE;
             int cls = head - TypeTable.CLASS;
@@ -2100,6 +1912,780 @@ public final class Overloadery {
             int steps = hierarchy.steps(cls, base);
             if (steps == NONE || hierarchy.leads(cls, 1 << base, step)) return steps == NONE ? NONE : step + steps;
             return step == 0 ? SEVERAL : NONE;
+        }
+    }
+
+    /**
+     * Finds the bodies of instances, of each one behind those that matter for it. Where instances ask for one another in
+     * a circle, a body is guessed for one of them, which must go with what follows from it. Where just one way goes with
+     * the document, it is this one. The document is silent about several ways, of which it is the first one, or one that
+     * goes with all types that have a number; and about none, where the body is not sure.
+     */
+    private static final class Search {
+        /** What is to be done next. */
+        private static final int BEGIN = 0;
+        private static final int DERIVE = 1;
+        private static final int KNOW = 2;
+        private static final int JUDGE = 3;
+        private static final int CHECK = 4;
+        private static final int CIRCLE = 5;
+        private static final int GUESS = 6;
+        private static final int TRY = 7;
+        private static final int CLASH = 8;
+        private static final int WAY = 9;
+        private static final int NO_OTHER = 10;
+        private static final int OUT = 11;
+        private static final int ANSWER = 12;
+        private static final int DONE = 13;
+        private static final int LIKEN = 14;
+
+        /** How often instances are looked at: for a call of the face, and at least for what is asked for in it. */
+        static final int LOOKS = 1 << 20;
+        static final int FEW_LOOKS = 1 << 17;
+        static final int LEAST_LOOKS = 1 << 12;
+        private static final int MOST = 1 << 24;
+
+        /** The link of an instance that was tried in a round. */
+        private static final int TRIED = 1 << 20;
+
+        /**
+         * A guess: for whom, the bodies that are left to try, how many there were on the trail ahead of it, how many
+         * guesses there were when it was seen to go with what follows from it, 0 if it was not; and the earlier guesses
+         * with which the bodies that were tried do not go, as bits, the last of which is for all others.
+         */
+        private static final int GUESSED = 0;
+        private static final int UNTRIED = 1;
+        private static final int TRAIL = 2;
+        private static final int SEEN = 3;
+        private static final int CONFLICT = 4;
+        private static final int ROW = 5;
+        private static final int LAST_BIT = 62;
+        private static final int MOST_GUESSES = 1 << 12;
+        private static final int FEW_ON_TRAIL = 1 << 10;
+        private static final int MOST_ON_TRAIL = 1 << 18;
+        private static final int MORE = 4;
+        /** With more types than these, instances are looked at together with those that are like them. */
+        static final int MANY = 1 << 11;
+
+        private final TypeTable table;
+        private final Bodies bodies;
+        private final Likeness likeness;
+        private int phase;
+        /** The instance whose body was asked for, and that for which a way is looked for. */
+        private int asked;
+        private int goal;
+        private int limit;
+        private int lastLimit;
+        /** Those for which nothing was found in the round that goes on are linked with its number. */
+        private int round;
+        private boolean hasProgress;
+        /** The one at the end of the way from one to those that matter for it, and so on; NONE if there is no such way. */
+        private int top;
+        /** The one that gets a body next, or that is next in another way. */
+        private int one;
+        private int newBody;
+        private long newReasons;
+        private boolean isTrying;
+        private boolean isWide;
+        private boolean isWideInVain;
+        private int guesses;
+        private long[] rows = new long[0];
+        /** The instances whose bodies depend on guesses, in their order; behind them the way to a circle. */
+        private int trailed;
+        private int[] trail = new int[0];
+        private long conflict;
+        /** The body of the goal in the first way, 0 if there was none; whether there was one way; it is gone again. */
+        private int found;
+        private boolean isSole;
+        private boolean isAgain;
+
+        Search(TypeTable table, Bodies bodies, Likeness likeness) {
+            this.table = table;
+            this.bodies = bodies;
+            this.likeness = likeness;
+        }
+
+        /** To be called when the notes of all types were forgotten; from now on there are so many looks. */
+        void startAnew(int looks) {
+            lastLimit = bodies.looks() + looks;
+            round = 0;
+            isWideInVain = false;
+        }
+
+        /** Whether all looks are used up. */
+        boolean isSpent() {
+            return bodies.looks() >= lastLimit;
+        }
+
+        /** Finds the body of an instance if so many looks are enough, and tells whether they are. */
+        boolean finds(int type, int looks) {
+            if (bodies.found(type) != 0) {
+                table.makeRoom();
+                bodies.complete(type);
+                return true;
+            }
+            limit = bodies.looks() + Math.max(LEAST_LOOKS, Math.min(looks, lastLimit - bodies.looks()));
+            asked = type;
+            beginWith(type, false);
+            if (bodies.isFree(type)) finish(Bodies.UNSURE_BIT);
+            for (int i = 0; i < MOST && phase != DONE; i++) {
+                switch (phase) {
+                    case BEGIN: begin(); break;
+                    case DERIVE: derive(); break;
+                    case LIKEN: liken(); break;
+                    case KNOW: know(); break;
+                    case JUDGE: judge(); break;
+                    case CHECK: check(); break;
+                    case CIRCLE: goRound(); break;
+                    case GUESS: guess(); break;
+                    case TRY: tryNext(); break;
+                    case CLASH: goBack(); break;
+                    case WAY: takeWay(); break;
+                    case NO_OTHER: end(); break;
+                    case OUT: giveUp(); break;
+                    default: answer();
+                }
+            }
+            return bodies.found(type) != 0;
+        }
+
+        /** Lets an instance whose body could not be found have the one that it has if what is open does not hold. */
+        void answerAtLeast(int type) {
+            bodies.look(type);
+            table.makeRoom();
+            bodies.answer(type, bodies.chosenAtLeast());
+        }
+
+        private void beginWith(int type, boolean doesTry) {
+            goal = type;
+            isTrying = doesTry;
+            isWide = false;
+            isAgain = false;
+            found = 0;
+            phase = BEGIN;
+        }
+
+        private void begin() {
+            undo(0);
+            guesses = 0;
+            startRound();
+            phase = JUDGE;
+        }
+
+        /** From now on all those can be asked again for which nothing could be found. */
+        private void startRound() {
+            round++;
+            hasProgress = false;
+        }
+
+        private boolean isOut() {
+            return bodies.looks() >= limit || table.isFull() || trailed + 1 >= MOST_ON_TRAIL;
+        }
+
+        /** Lets an instance have a body next, which depends on some guesses, given as bits. */
+        private void willKnow(int type, int body, long reasons) {
+            one = type;
+            newBody = body;
+            newReasons = reasons;
+            phase = KNOW;
+        }
+
+        private void know() {
+            table.makeRoom();
+            bodies.know(one, newBody);
+            hasProgress = true;
+            phase = top == NONE ? JUDGE : DERIVE;
+            if (newReasons == 0) return;
+            table.setReasons(one, newReasons);
+            putOnTrail(trailed, one);
+            trailed++;
+        }
+
+        private void answer() {
+            undo(0);
+            table.makeRoom();
+            bodies.answer(asked, newBody);
+            phase = DONE;
+        }
+
+        private void putOnTrail(int at, int type) {
+            if (at >= trail.length) trail = Arrays.copyOf(trail, Math.max(FEW_ON_TRAIL, trail.length << MORE));
+            trail[at] = type;
+        }
+
+        /** Takes the bodies away that came behind so many. */
+        private void undo(int left) {
+            while (trailed > left) {
+                trailed--;
+                bodies.forget(trail[trailed]);
+                table.setReasons(trail[trailed], 0);
+            }
+        }
+
+        /** Goes from an instance to those that matter for it, and finds the bodies of these first. */
+        private void derive() {
+            boolean doesLiken = !isTrying && likeness.isOfUse() && table.count() > MANY;
+            for (int i = 0; i < MOST && top != NONE && phase == DERIVE; i++) {
+                boolean isOut = isOut();
+                if (doesLiken && !isOut && table.note(top, TypeTable.NORM) != top + 1) {
+                    phase = LIKEN;
+                    return;
+                }
+                int set = isOut ? 0 : bodies.look(top);
+                int next = Integer.bitCount(set) > 1 ? nextToAsk() : NONE;
+                int type = top;
+                if (next != NONE) {
+                    goTo(next);
+                } else {
+                    leaveTop();
+                    if (Integer.bitCount(set) == 1) willKnow(type, set, bodies.reasons());
+                }
+            }
+            if (phase == DERIVE) phase = JUDGE;
+        }
+
+        private void goTo(int next) {
+            table.setNote(next, TypeTable.LINK, top + 2);
+            top = next;
+        }
+
+        private void leaveTop() {
+            int below = table.note(top, TypeTable.LINK) - 2;
+            table.setNote(top, TypeTable.LINK, tried());
+            top = below;
+        }
+
+        /**
+         * Where there are many types, goes from an instance to what stands for all that are like it, and gives it the body
+         * of this. If that can't be told, or its body can't be found, the instance stands for itself.
+         */
+        private void liken() {
+            phase = DERIVE;
+            table.makeRoom();
+            int like = table.note(top, TypeTable.NORM) - 1;
+            int parts = like == NONE ? likeness.parts(top) : 0;
+            boolean isKnown = true;
+            for (int i = 0; i < parts && isKnown; i++) {
+                isKnown = bodies.isLedKnown(likeness.part(i));
+            }
+            if (!isKnown && isNew(bodies.stop())) {
+                goTo(bodies.stop());
+                return;
+            }
+            if (like == NONE) like = isKnown ? likeness.key(top) : top;
+            boolean isReady = bodies.known(like) != 0;
+            boolean doesGo = like != top && !isReady && isNew(like);
+            table.setNote(top, TypeTable.NORM, (isReady || doesGo ? like : top) + 1);
+            if (doesGo) {
+                goTo(like);
+            } else if (isReady && like != top) {
+                bodies.share(top);
+                hasProgress = true;
+                leaveTop();
+            }
+        }
+
+        private int tried() {
+            return TRIED | round & TRIED - 1;
+        }
+
+        /** The smallest one that matters in the last look and was not come to in this round; NONE if there is none. */
+        private int nextToAsk() {
+            int next = NONE;
+            for (int i = 0; i < bodies.open(); i++) {
+                int stop = bodies.openStop(i);
+                if (isNew(stop) && (next == NONE || table.size(stop) < table.size(next))) next = stop;
+            }
+            return next;
+        }
+
+        /** Whether an instance was not come to in this round. */
+        private boolean isNew(int type) {
+            int link = table.note(type, TypeTable.LINK);
+            return link == 0 || link >= TRIED && link != tried();
+        }
+
+        /** Looks at the last guess that was not seen to go with what follows from it, or else at the goal. */
+        private void judge() {
+            int at = lastUnseen();
+            one = at == NONE ? nextGoal() : (int) row(at, GUESSED);
+            if (one == NONE || isOut()) {
+                phase = one == NONE ? WAY : OUT;
+                return;
+            }
+            int set = bodies.look(one);
+            top = nextToAsk();
+            if (at != NONE && (set & bodies.known(one)) == 0) {
+                clash(at);
+            } else if (Integer.bitCount(set) == 1) {
+                top = NONE;
+                if (at == NONE) willKnow(one, set, bodies.reasons());
+                else setRow(at, SEEN, guesses);
+            } else if (top != NONE) {
+                table.setNote(top, TypeTable.LINK, 1);
+                phase = DERIVE;
+            } else if (hasProgress) {
+                startRound();
+            } else {
+                if (at != NONE) one = bodies.openStop(0);
+                phase = CHECK;
+            }
+        }
+
+        private int lastUnseen() {
+            for (int i = guesses - 1; i >= 0; i--) {
+                if (row(i, SEEN) == 0) return i;
+            }
+            return NONE;
+        }
+
+        private int nextGoal() {
+            for (int i = 0; i < table.numbered() && isWide; i++) {
+                int type = table.place(i);
+                boolean isClosed = TypeTable.isInstance(table.head(type)) && !table.isOpen(type);
+                if (isClosed && bodies.known(type) == 0) return type;
+            }
+            return bodies.known(goal) == 0 ? goal : NONE;
+        }
+
+        private void clash(int at) {
+            conflict = bodies.reasons() | bit(at);
+            phase = CLASH;
+        }
+
+        private static long bit(int guess) {
+            return 1L << Math.min(guess, LAST_BIT);
+        }
+
+        private long row(int guess, int at) {
+            return rows[guess * ROW + at];
+        }
+
+        private void setRow(int guess, int at, long value) {
+            rows[guess * ROW + at] = value;
+        }
+
+        /** Looks whether all guesses go with what is known by now. */
+        private void check() {
+            phase = CIRCLE;
+            for (int i = 0; i < guesses && phase == CIRCLE; i++) {
+                int type = (int) row(i, GUESSED);
+                boolean doesGo = row(i, SEEN) > 0 || (bodies.look(type) & bodies.known(type)) != 0;
+                if (!doesGo) clash(i);
+            }
+        }
+
+        /** Goes from one instance to one of some that ask for one another, and for no others that have no body. */
+        private void goRound() {
+            int at = 0;
+            int height = 0;
+            int next = one;
+            one = NONE;
+            for (int i = 0; i < MOST && one == NONE; i++) {
+                if (next != NONE) {
+                    table.setNote(next, TypeTable.ORIGIN, at);
+                    putOnTrail(trailed + height, next);
+                    at = height++;
+                    table.setNote(next, TypeTable.LINK, height);
+                }
+                int type = trail[trailed + at];
+                bodies.look(type);
+                next = trailed + height < MOST_ON_TRAIL ? nextNotLinked(height) : NONE;
+                int least = leastLink(height, table.note(type, TypeTable.LINK));
+                if (next == NONE && least < at + 1) {
+                    table.setNote(type, TypeTable.LINK, least);
+                    at = table.note(type, TypeTable.ORIGIN);
+                } else if (next == NONE) {
+                    one = type;
+                }
+            }
+            for (int i = 0; i < height; i++) {
+                table.setNote(trail[trailed + i], TypeTable.LINK, 0);
+            }
+            if (isTrying) phase = guesses < MOST_GUESSES ? GUESS : OUT;
+            else beginWith(one, true);
+        }
+
+        private int nextNotLinked(int height) {
+            for (int i = 0; i < bodies.open(); i++) {
+                int link = table.note(bodies.openStop(i), TypeTable.LINK);
+                if (link == 0 || link > height) return bodies.openStop(i);
+            }
+            return NONE;
+        }
+
+        private int leastLink(int height, int own) {
+            int least = own;
+            for (int i = 0; i < bodies.open(); i++) {
+                int link = table.note(bodies.openStop(i), TypeTable.LINK);
+                if (link > 0 && link <= height) least = Math.min(least, link);
+            }
+            return least;
+        }
+
+        private void guess() {
+            if ((guesses + 1) * ROW > rows.length) {
+                rows = Arrays.copyOf(rows, Math.max(FEW_ON_TRAIL, rows.length << MORE));
+            }
+            setRow(guesses, GUESSED, one);
+            setRow(guesses, UNTRIED, bodies.look(one));
+            setRow(guesses, TRAIL, trailed);
+            setRow(guesses, CONFLICT, 0);
+            guesses++;
+            phase = TRY;
+        }
+
+        /** Guesses the next body for the last guess, that of the template itself first, no sure body last. */
+        private void tryNext() {
+            int at = guesses - 1;
+            int type = (int) row(at, GUESSED);
+            int left = (int) row(at, UNTRIED);
+            int body = (left & Bodies.ITSELF_BIT) != 0 ? Bodies.ITSELF_BIT : left & -left;
+            setRow(at, UNTRIED, left & ~body);
+            setRow(at, SEEN, bodies.isFree(type) ? 1 : 0);
+            top = NONE;
+            willKnow(type, body, bit(at));
+        }
+
+        /** Takes back the last guess on which the clash depends, and those behind it. */
+        private void goBack() {
+            boolean isHigh = guesses > LAST_BIT && conflict >> LAST_BIT != 0;
+            int at = isHigh ? guesses - 1 : LAST_BIT + 1 - Long.numberOfLeadingZeros(conflict);
+            if (conflict == 0) {
+                phase = NO_OTHER;
+                return;
+            }
+            undo((int) row(at, TRAIL));
+            guesses = at + 1;
+            for (int i = 0; i < at; i++) {
+                if (row(i, SEEN) > at) setRow(i, SEEN, 0);
+            }
+            if (at <= LAST_BIT) conflict &= ~bit(at);
+            conflict |= row(at, CONFLICT);
+            setRow(at, CONFLICT, conflict);
+            if (row(at, UNTRIED) != 0) phase = TRY;
+            else guesses = at;
+        }
+
+        /** There is a way to choose the bodies. The goal has its body for sure if it has it in all others as well. */
+        private void takeWay() {
+            int body = bodies.known(goal);
+            if (!isTrying) {
+                phase = DONE;
+            } else if (isWide) {
+                finish(body);
+            } else if (isAgain || found == 0 && !hasUntried()) {
+                keepWay();
+            } else if (table.reasons(goal) == 0) {
+                beginWith(asked, false);
+            } else if (found != 0 && body != found) {
+                goFurther();
+            } else {
+                isSole = found == 0;
+                conflict = isSole ? allGuesses() : table.reasons(goal);
+                found = body;
+                phase = CLASH;
+            }
+        }
+
+        private boolean hasUntried() {
+            for (int i = 0; i < guesses; i++) {
+                if (row(i, UNTRIED) != 0) return true;
+            }
+            return false;
+        }
+
+        private long allGuesses() {
+            return guesses > LAST_BIT ? Long.MAX_VALUE : (1L << guesses) - 1;
+        }
+
+        /** Goes on with what follows from the only way. */
+        private void keepWay() {
+            for (int i = 0; i < trailed; i++) {
+                table.setReasons(trail[i], 0);
+            }
+            trailed = 0;
+            beginWith(asked, false);
+        }
+
+        /** There is no other way, or no way at all, or none in which the goal has another body. */
+        private void end() {
+            int body = found;
+            if (isWide || isAgain) {
+                isWideInVain = true;
+                finish(body);
+            } else if (body != 0 && isSole) {
+                beginWith(goal, true);
+                found = body;
+                isAgain = true;
+            } else if (goal != asked) {
+                beginWith(asked, true);
+            } else if (body == 0) {
+                goWithoutWay((int) row(0, GUESSED));
+            } else {
+                finish(body);
+            }
+        }
+
+        /** Where there is no way, what does not depend on it goes on, whatever body the first one has for which was guessed. */
+        private void goWithoutWay(int type) {
+            if (type == asked) {
+                finish(Bodies.UNSURE_BIT);
+                return;
+            }
+            bodies.free(type);
+            beginWith(asked, false);
+        }
+
+        /** Where the goal has several bodies, that is looked for with which all types with a number have a way. */
+        private void goFurther() {
+            int body = found;
+            if (goal == asked && isWideInVain) {
+                finish(body);
+                return;
+            }
+            boolean wasAsked = goal == asked;
+            beginWith(asked, true);
+            isWide = wasAsked;
+            if (wasAsked) found = body;
+        }
+
+        private void giveUp() {
+            undo(0);
+            if (goal == asked && found != 0) finish(found);
+            else phase = DONE;
+        }
+
+        private void finish(int body) {
+            newBody = body;
+            phase = ANSWER;
+        }
+    }
+
+    /**
+     * What instances have in common whose bases are the same but for parts. A part of a type is opened only as far as a
+     * pattern can come to it; otherwise it can be told apart only by its size, its kind, and to what it leads.
+     */
+    private static final class Likeness {
+        private static final int MOST = 62;
+        /** Stands for a pattern that tells all types apart. */
+        private static final long WHOLE = 1L << MOST;
+        private static final int BASES = Templates.TEMPLATES * (Templates.EACH + 1);
+
+        private final TypeTable table;
+        private final Templates templates;
+        private final Bodies bodies;
+        private int changes = NONE;
+        /** The patterns and those in them, but for parameters, and where those in them stand, NONE for parameters. */
+        private int count;
+        private final int[] patterns = new int[MOST];
+        private final int[] firsts = new int[MOST];
+        private final int[] seconds = new int[MOST];
+        /** Sets of these: by what stands ahead, for the first and second types of instances, for any part. */
+        private final long[] headed = new long[TypeTable.HEADS];
+        private final long[] asked = new long[Templates.TEMPLATES * 2];
+        private long askedAnywhere;
+        private boolean doLead;
+        /** A type with its parts, those behind what is not opened left out, and what is asked of each. */
+        private final int[] row = new int[TypeTable.LARGEST + 1];
+        private final boolean[] areOpened = new boolean[TypeTable.LARGEST + 1];
+        private int length;
+        private final int[] stack = new int[TypeTable.LARGEST + 1];
+        private final long[] stackAsked = new long[TypeTable.LARGEST + 1];
+
+        Likeness(TypeTable table, Templates templates, Bodies bodies) {
+            this.table = table;
+            this.templates = templates;
+            this.bodies = bodies;
+        }
+
+        /** To be called ahead of a search, as the templates may have changed. */
+        void renew() {
+            if (changes == templates.changes()) return;
+            changes = templates.changes();
+            count = 0;
+            askedAnywhere = 0;
+            doLead = false;
+            Arrays.fill(headed, 0);
+            Arrays.fill(asked, 0);
+            for (int template = 0; template < templates.count(); template++) {
+                for (int i = 0; i < templates.specialisations(template); i++) {
+                    takeRow(template, i);
+                }
+            }
+            long before = NONE;
+            for (int i = 0; i <= MOST && before != askedAnywhere; i++) {
+                before = askedAnywhere;
+                for (int j = 0; j < BASES; j++) {
+                    askBase(templates.base(j / (Templates.EACH + 1), j % (Templates.EACH + 1) - 1));
+                }
+            }
+        }
+
+        private void takeRow(int template, int specialisation) {
+            int met = 0;
+            boolean isTwice = false;
+            for (int i = 0; i < Templates.ROW; i++) {
+                int pattern = templates.pattern(template, specialisation, i);
+                int size = table.size(table.place(pattern));
+                for (int j = 0; j < size; j++) {
+                    int token = table.token(pattern, j);
+                    int bit = TypeTable.isParameter(token) ? 1 << token - TypeTable.PARAMETER : 0;
+                    if ((met & bit) != 0) isTwice = true;
+                    met |= bit;
+                }
+                asked[template * 2 + i] |= taken(table.place(pattern));
+            }
+            for (int i = 0; i < Templates.ROW && isTwice; i++) {
+                asked[template * 2 + i] |= WHOLE;
+            }
+            for (int i = 0; i < PARAMETERS; i++) {
+                if (templates.wanted(Templates.place(template, specialisation), i) != 0) doLead = true;
+            }
+        }
+
+        /** A pattern as a set of one, which is taken with all those in it; WHOLE if there are too many. */
+        private long taken(int pattern) {
+            int from = count;
+            int first = index(pattern);
+            for (int i = from; i < count && first < MOST; i++) {
+                firsts[i] = index(table.first(patterns[i]));
+                seconds[i] = index(table.second(patterns[i]));
+            }
+            return bit(first);
+        }
+
+        private static long bit(int index) {
+            return index == NONE ? 0 : 1L << index;
+        }
+
+        private int index(int pattern) {
+            if (pattern == NONE || TypeTable.isParameter(table.head(pattern))) return NONE;
+            for (int i = 0; i < count; i++) {
+                if (patterns[i] == pattern) return i;
+            }
+            if (count == MOST) return MOST;
+            patterns[count] = pattern;
+            headed[table.head(pattern)] |= 1L << count;
+            return count++;
+        }
+
+        /** What is asked of the first or second part of a type of which these patterns are asked, but for those of it. */
+        private long askedOf(long all, int head, boolean isFirst) {
+            long asked = all & WHOLE;
+            long left = all & headed[head];
+            for (int i = 0; i < count && left != 0; i++) {
+                if ((left >> i & 1) == 1) asked |= bit(isFirst ? firsts[i] : seconds[i]);
+            }
+            return asked;
+        }
+
+        /** Finds what is asked of that for which the parameters in a base stand. */
+        private void askBase(int number) {
+            int size = table.size(table.place(number));
+            int left = 0;
+            int at = table.place(number);
+            for (int i = 0; i < size; i++) {
+                row[i] = at;
+                int second = table.second(at);
+                if (second != NONE) stack[left++] = second;
+                at = table.first(at);
+                if (at == NONE && left > 0) at = stack[--left];
+            }
+            for (int i = 0; i < size; i++) {
+                int head = table.head(row[i]);
+                boolean isInstance = TypeTable.isInstance(head);
+                if (i > 0) ask(askedAnywhere, row[i]);
+                if (isInstance) ask(asked[TypeTable.templateOf(head) * 2], table.first(row[i]));
+                if (isInstance) ask(asked[TypeTable.templateOf(head) * 2 + 1], table.second(row[i]));
+            }
+        }
+
+        private void ask(long all, int type) {
+            int left = 0;
+            int at = type;
+            long asked = all;
+            for (int i = 0; i < TypeTable.LARGEST && at != NONE; i++) {
+                int head = table.head(at);
+                boolean goesOn = asked != 0 && table.isOpen(at) && !TypeTable.isParameter(head);
+                if (TypeTable.isParameter(head)) askedAnywhere |= asked;
+                int second = goesOn ? table.second(at) : NONE;
+                if (second != NONE) {
+                    stack[left] = second;
+                    stackAsked[left++] = askedOf(asked, head, false);
+                }
+                at = goesOn ? table.first(at) : NONE;
+                if (at != NONE) {
+                    asked = askedOf(asked, head, true);
+                } else if (left > 0) {
+                    at = stack[--left];
+                    asked = stackAsked[left];
+                }
+            }
+        }
+
+        /** Whether likeness can shorten the search for a body. */
+        boolean isOfUse() {
+            return doLead;
+        }
+
+        /** How many parts there are of which it must be known to what they lead. */
+        int parts(int type) {
+            if (!doLead) return 0;
+            cut(type);
+            int parts = 0;
+            for (int i = 1; i < length; i++) {
+                if (!areOpened[i] && TypeTable.isInstance(table.head(row[i]))) row[parts++] = row[i];
+            }
+            return parts;
+        }
+
+        int part(int at) {
+            return row[at];
+        }
+
+        /** What stands for all types that are like one, the type itself if there are none. */
+        int key(int type) {
+            cut(type);
+            int left = 0;
+            for (int i = length - 1; i >= 0; i--) {
+                int head = table.head(row[i]);
+                int first = areOpened[i] && head >= TypeTable.POINTER && left > 0 ? stack[--left] : NONE;
+                int second = areOpened[i] && head >= TypeTable.TWOFOLD && left > 0 ? stack[--left] : NONE;
+                int led = areOpened[i] || !doLead ? 0 : bodies.led(row[i]);
+                int size = table.size(row[i]);
+                long shape = areOpened[i] ? TypeTable.shape(head, first, second, size, false)
+                        : TypeTable.shape(TypeTable.likeHead(head), led, NONE, size, false);
+                stack[left++] = TypeTable.isLike(head) ? row[i] : table.kept(shape);
+            }
+            return left > 0 ? stack[0] : NONE;
+        }
+
+        private void cut(int type) {
+            length = 0;
+            int left = 0;
+            int at = type;
+            long all = WHOLE;
+            for (int i = 0; i < TypeTable.LARGEST && at != NONE; i++) {
+                int head = table.head(at);
+                boolean isOpened = i == 0 || !TypeTable.isLike(head) && (all & (headed[head] | WHOLE)) != 0;
+                row[length] = at;
+                areOpened[length++] = isOpened;
+                int own = TypeTable.isInstance(head) ? TypeTable.templateOf(head) * 2 : NONE;
+                int second = isOpened ? table.second(at) : NONE;
+                long most = i == 0 ? 0 : all;
+                if (second != NONE) {
+                    stack[left] = second;
+                    stackAsked[left++] = askedOf(most, head, false) | askedAnywhere | (own == NONE ? 0 : asked[own + 1]);
+                }
+                at = isOpened ? table.first(at) : NONE;
+                if (at != NONE) {
+                    all = askedOf(most, head, true) | askedAnywhere | (own == NONE ? 0 : asked[own]);
+                } else if (left > 0) {
+                    at = stack[--left];
+                    all = stackAsked[left];
+                }
+            }
         }
     }
 
@@ -2264,19 +2850,11 @@ public final class Overloadery {
             return bindings.type(DEDUCED, parameter);
         }
 
-        /** Finds how the arguments come to the parameters of a function, and tells whether it is viable. */
+        /**
+         * Finds how the arguments come to the parameters of a function, and tells whether it is viable; if the body of an
+         * instance is needed, it is to be called again then.
+         */
         boolean settles(int function) {
-            bodies.startAnew();
-            boolean isViable = tries(function);
-            for (int i = 0; i < MOST_NEEDED && bodies.needsOne(); i++) {
-                bodies.find(bodies.takeNeeded());
-                isViable = tries(function);
-            }
-            return isViable;
-        }
-
-        /** The same with the instances that are found so far; if one is needed, it is to be asked for again then. */
-        private boolean tries(int function) {
             bindings.empty(DEDUCED);
             if (functions.parameters(function) != count) return false;
             for (int i = 0; i < count; i++) {
@@ -2396,7 +2974,11 @@ public final class Overloadery {
         private static final int NO_BEST = -2;
         private static final int DELETED = -3;
         private static final int NOT_SURE = -4;
-        private static final int MOST_BASES = 100;
+        /** The ways to walk: the smallest one of all first, or all in turn. */
+        private static final int SMALLEST_FIRST = 0;
+        static final int WAYS = 2;
+        /** The queue of those that wait; the others are for the sizes, or there is one. */
+        private static final int LATE = TypeTable.LARGEST + 1;
 
         private final TypeTable table;
         private final Hierarchy hierarchy;
@@ -2404,22 +2986,27 @@ public final class Overloadery {
         private final Bodies bodies;
         private final Functions functions;
         private final Call call;
+        private final Likeness likeness;
         private final boolean[] areIn = new boolean[Functions.FUNCTIONS];
-        /** The walk through the types on which the candidates depend. */
-        private int walkedTo;
-        private int last;
-        private int classesBehind;
-        private boolean areBasesFirst;
-        private int basesInLine;
+        private int name;
+        /** The classes by way of which something may be found that is missing, as bits. */
+        private int wanted;
+        /** The walk through the types on which the candidates depend: the queues of those that are to be looked at. */
+        private int way;
+        private int current;
+        private boolean isLate;
+        private final int[] firsts = new int[LATE + 1];
+        private final int[] lasts = new int[LATE + 1];
 
-        Choice(TypeTable table, Hierarchy hierarchy, Templates templates, Bodies bodies, Functions functions,
-                Call call) {
+        Choice(TypeTable table, Hierarchy hierarchy, Templates templates, Bodies bodies, Likeness likeness,
+                Functions functions, Call call) {
             this.table = table;
             this.hierarchy = hierarchy;
             this.templates = templates;
             this.bodies = bodies;
             this.functions = functions;
             this.call = call;
+            this.likeness = likeness;
         }
 
         int count() {
@@ -2430,29 +3017,20 @@ public final class Overloadery {
             return sum;
         }
 
-        /** Finds the candidates of the call of a name. */
-        void gather(int namespace, int name) {
+        /** Finds the candidates of the call of a name that are there whatever the arguments are. */
+        void begin(int namespace, int name) {
+            this.name = name;
             for (int i = 0; i < Functions.FUNCTIONS; i++) {
                 areIn[i] = false;
             }
             int at = namespace;
             for (int i = 0; i < Functions.NAMESPACES && at != NONE; i++) {
-                at = takeFrom(at, name) ? NONE : functions.outer(at);
+                at = takeFrom(at) ? NONE : functions.outer(at);
             }
-            for (int i = 0; i < call.count(); i++) {
-                boolean isFull = true;
-                for (int turn = 0; turn < 2 && isFull; turn++) {
-                    bodies.startAnew();
-                    beginWalk(call.argument(i), templates.classesBehind(call.argument(i)), turn == 0);
-                    for (int j = 0; j < TypeTable.ROOM && needsBase(name); j++) {
-                        bodies.find(bodies.takeNeeded());
-                    }
-                    isFull = table.isFull();
-                }
-            }
+            findWanted();
         }
 
-        private boolean takeFrom(int namespace, int name) {
+        private boolean takeFrom(int namespace) {
             boolean hasSome = false;
             for (int i = 0; i < functions.count(); i++) {
                 if (functions.isNamed(i, namespace, name)) {
@@ -2463,66 +3041,109 @@ public final class Overloadery {
             return hasSome;
         }
 
-        /** Whether a function is missing that may be found by way of these classes. */
-        private boolean lacks(int name, int classes) {
+        /** Finds the classes by way of which a function may be found that is missing, as bits. */
+        private void findWanted() {
+            wanted = 0;
             for (int i = 0; i < functions.count(); i++) {
                 for (int cls = 0; cls < hierarchy.count() && !areIn[i]; cls++) {
-                    boolean isOne = (classes >> cls & 1) == 1;
-                    if (isOne && functions.isNamed(i, hierarchy.namespace(cls), name)) return true;
+                    if (functions.isNamed(i, hierarchy.namespace(cls), name)) wanted |= 1 << cls;
                 }
             }
-            return false;
-        }
-
-        private void beginWalk(int type, int classes, boolean doBasesGoFirst) {
-            walkedTo = type;
-            last = type;
-            table.setNote(type, TypeTable.QUEUE, 1);
-            classesBehind = classes;
-            areBasesFirst = doBasesGoFirst;
-            basesInLine = 0;
         }
 
         /**
-         * Goes through a type, the types in it, and those that are bases of these, each of which is queued once, until
-         * the base of one is needed. There may be more than there is room for, so that it ends as soon as nothing else
-         * can be found; and the bases of a type are either looked at ahead of all others, or when it is their turn.
+         * Begins a walk through a type, the types in it, and those that are bases of these. There may be more than there
+         * is room for, so that there are several ways, which go to different ones first.
          */
-        private boolean needsBase(int name) {
-            for (int i = 0; i < TypeTable.ROOM && walkedTo != NONE && lacks(name, classesBehind); i++) {
-                int head = table.head(walkedTo);
-                int base = TypeTable.isInstance(head) ? bodies.base(walkedTo) : NONE;
+        void beginWalk(int type, int way) {
+            this.way = way;
+            Arrays.fill(firsts, NONE);
+            Arrays.fill(lasts, NONE);
+            enqueue(type);
+            current = next();
+        }
+
+        /** Goes on until the body of an instance is needed, and tells whether one is. */
+        boolean goesOn() {
+            for (int i = 0; i < TypeTable.ROOM && !isDone() && !table.isFull(); i++) {
+                int head = table.head(current);
+                enqueue(table.first(current));
+                enqueue(table.second(current));
+                if (TypeTable.isClass(head)) takeFromClass(head - TypeTable.CLASS);
+                int base = TypeTable.isInstance(head) ? newBase() : NONE;
+                enqueue(base);
                 if (bodies.needsOne()) return true;
-                if (TypeTable.isClass(head)) takeFromClass(head - TypeTable.CLASS, name);
-                enqueue(table.first(walkedTo));
-                enqueue(table.second(walkedTo));
-                boolean isNext = areBasesFirst && isNew(base) && basesInLine < MOST_BASES;
-                if (isNext) putBehind(walkedTo, base);
-                else enqueue(base);
-                basesInLine = isNext ? basesInLine + 1 : 0;
-                walkedTo = table.note(walkedTo, TypeTable.QUEUE) - 2;
+                current = next();
             }
             return false;
         }
 
-        private void putBehind(int type, int next) {
-            table.setNote(next, TypeTable.QUEUE, table.note(type, TypeTable.QUEUE));
-            table.setNote(type, TypeTable.QUEUE, next + 2);
-            if (type == last) last = next;
+        /** Whether there is nothing to find, or nothing that was not looked at. */
+        boolean isDone() {
+            return current == NONE || wanted == 0;
         }
 
-        private boolean isNew(int type) {
-            return type != NONE && table.note(type, TypeTable.QUEUE) == 0;
+        /** Whether there are only types left for which it takes long to find the base. */
+        boolean isLate() {
+            return isLate;
+        }
+
+        /** Lets a type wait for which it takes long to find the base, until there are no others. */
+        void putOff() {
+            put(current, LATE);
+            current = next();
+        }
+
+        /** The base of a type; NONE if there is none, if that of one like it was queued, or if a body is needed first. */
+        private int newBase() {
+            boolean doesLiken = table.count() > Search.MANY;
+            table.makeRoom();
+            int parts = doesLiken ? likeness.parts(current) : 0;
+            for (int i = 0; i < parts && !bodies.needsOne(); i++) {
+                bodies.led(likeness.part(i));
+            }
+            int key = bodies.needsOne() || !doesLiken ? current : likeness.key(current);
+            boolean isLikeOther = key != current && table.note(key, TypeTable.QUEUE) != 0;
+            int base = bodies.needsOne() || isLikeOther ? NONE : bodies.base(current);
+            if (key != current && !bodies.needsOne()) table.setNote(key, TypeTable.QUEUE, 1);
+            return base;
+        }
+
+        /** The next type of the queue, the smallest one if there are several queues; NONE if there is none. */
+        private int next() {
+            for (int i = 0; i <= LATE; i++) {
+                int type = firsts[i];
+                isLate = i == LATE;
+                if (type == NONE) continue;
+                firsts[i] = table.note(type, TypeTable.QUEUE) - 2;
+                if (firsts[i] == NONE) lasts[i] = NONE;
+                return type;
+            }
+            return NONE;
         }
 
         private void enqueue(int type) {
-            if (isNew(type)) putBehind(last, type);
+            if (isWanted(type)) put(type, way == SMALLEST_FIRST ? table.size(type) : 0);
         }
 
-        private void takeFromClass(int cls, int name) {
+        private void put(int type, int queue) {
+            table.setNote(type, TypeTable.QUEUE, 1);
+            if (lasts[queue] == NONE) firsts[queue] = type;
+            else table.setNote(lasts[queue], TypeTable.QUEUE, type + 2);
+            lasts[queue] = type;
+        }
+
+        /** Whether a type was not queued, and something that is missing may be found by way of it. */
+        private boolean isWanted(int type) {
+            if (type == NONE || table.note(type, TypeTable.QUEUE) != 0) return false;
+            return (templates.classesBehind(type) & wanted) != 0;
+        }
+
+        private void takeFromClass(int cls) {
             for (int base = 0; base <= cls; base++) {
-                if (hierarchy.steps(cls, base) != NONE) takeFrom(hierarchy.namespace(base), name);
+                if (hierarchy.steps(cls, base) != NONE) takeFrom(hierarchy.namespace(base));
             }
+            findWanted();
         }
 
         boolean has(int function) {
