@@ -406,7 +406,7 @@ public final class Overloadery {
         templates.findEnds();
         likeness.renew();
         table.forgetPassing();
-        bodies.begin();
+        bodies.startAnew();
         search.startAnew(looks);
     }
 
@@ -568,6 +568,7 @@ public final class Overloadery {
         static final int QUEUE = 64;
         static final int ORIGIN = 85;
         static final int NORM = 128;
+        static final int BLOCK = 149;
         private static final int NOTE = (1 << 21) - 1;
         private static final int WORD_AT = 6;
 
@@ -1570,15 +1571,25 @@ public final class Overloadery {
         static final int UNSURE_BIT = 1 << Templates.EACH + 1;
         private static final int BITS = Templates.EACH + 2;
         private static final int ALL = (1 << BITS) - 1;
-        /** Noted are the body that is known, behind it that which is an answer alone, and whether it can be any one. */
-        private static final int FOUND = ALL << BITS | ALL;
+        /** Noted are the bodies that can be, behind them that which is an answer alone, and whether it can be any one. */
         private static final int FREE = 1 << BITS + BITS;
-        private static final int MOST = Templates.EACH * PARAMETERS;
+        /** The link of an instance that was come to in the round with this mark. */
+        static final int TRIED = 1 << 20;
 
         /** Whether a constraint holds. */
-        private static final int NO = 0;
-        private static final int OPEN = 1;
+        private static final int NO = 1;
         private static final int YES = 2;
+        private static final int EITHER = NO | YES;
+
+        /** How many of those are kept that tell more about a specialisation; each is an instance, or one of its bodies. */
+        private static final int MOST = 8;
+        private static final int BODY_AT = 20;
+        private static final int PLACES = (1 << BODY_AT) - 1;
+
+        private static final int BLOCK = Templates.EACH + 1;
+        private static final int BLOCKS = 1 << 16;
+        private static final int FEW_BLOCKS = 64;
+        private static final int MORE = 3;
 
         /** The frames of bindings. */
         private static final int FITTING = 0;
@@ -1588,20 +1599,27 @@ public final class Overloadery {
         private final Hierarchy hierarchy;
         private final Templates templates;
         private final Bindings bindings;
+        /** The bases of instances that can have several bodies, for each one. */
+        private int[] blocks = new int[0];
+        private int blockCount;
         private int looks;
         private int needed;
+        /** Whether all bodies are looked at that an instance can have, or only one that is known. */
+        private boolean isDeep;
+        private int mark;
         /** What the last look has told: the specialisations that fit, and those that may, as bits. */
         private int template;
         private int sure;
         private int maybe;
         private long reasons;
         private long reasonsOfOne;
-        /** The instances without a body behind which it is open whether a specialisation fits; those that matter. */
+        /** What would tell more, for each specialisation, and for those that matter. */
         private int stop;
-        private final int[] stops = new int[MOST];
+        private int asking;
+        private final int[] stops = new int[Templates.EACH * MOST];
         private final int[] stopCounts = new int[Templates.EACH];
         private int open;
-        private final int[] openStops = new int[MOST];
+        private final int[] openStops = new int[Templates.EACH * MOST];
 
         Bodies(TypeTable table, Hierarchy hierarchy, Templates templates) {
             this.table = table;
@@ -1610,45 +1628,55 @@ public final class Overloadery {
             bindings = new Bindings(table, OF_BASE + 1);
         }
 
+        /** The bodies that an instance can have, as bits; 0 if it was not looked at, and it can have any. */
+        int set(int type) {
+            return table.note(type, TypeTable.BODY) & ALL;
+        }
+
+        void putSet(int type, int set) {
+            table.setNote(type, TypeTable.BODY, table.note(type, TypeTable.BODY) & ~ALL | set);
+        }
+
         /** The body that follows from what is known, or from guesses, as a bit; 0 if there is none yet. */
         int known(int type) {
-            return table.note(type, TypeTable.BODY) & ALL;
+            int set = table.note(type, TypeTable.BODY) & ALL;
+            return (set & set - 1) == 0 ? set : 0;
         }
 
         /** The body that was found, whether something follows from it or not; 0 if there is none yet. */
         int found(int type) {
             int note = table.note(type, TypeTable.BODY);
-            return (note & ALL) != 0 ? note & ALL : note >> BITS & ALL;
+            int set = note & ALL;
+            return set != 0 && (set & set - 1) == 0 ? set : note >> BITS & ALL;
         }
 
         /** Lets an instance have a body from which other ones follow. */
         void know(int type, int body) {
-            table.setNote(type, TypeTable.BODY, table.note(type, TypeTable.BODY) & ~ALL | body);
-            putBase(type, body);
+            putSet(type, body);
+            table.setNote(type, TypeTable.BASE, foundBase(type, body) + 2);
         }
 
-        /** Takes such a body away. */
-        void forget(int type) {
-            int note = table.note(type, TypeTable.BODY) & ~ALL;
-            table.setNote(type, TypeTable.BODY, note);
+        /** Takes such a body away, and gives back those that the instance could have. */
+        void forget(int type, int set) {
+            putSet(type, set);
             table.setNote(type, TypeTable.BASE, 0);
         }
 
         /** Lets an instance have the body of what stands for all that are like it; its own base is not needed for that. */
         void share(int type) {
-            int body = known(table.note(type, TypeTable.NORM) - 1);
-            table.setNote(type, TypeTable.BODY, table.note(type, TypeTable.BODY) & ~ALL | body);
+            putSet(type, known(table.note(type, TypeTable.NORM) - 1));
         }
 
         /** Finds the base of an instance whose body was found. */
         void complete(int type) {
-            if (table.note(type, TypeTable.BASE) == 0) putBase(type, found(type));
+            boolean isMissing = table.note(type, TypeTable.BASE) == 0;
+            if (isMissing) table.setNote(type, TypeTable.BASE, foundBase(type, found(type)) + 2);
         }
 
         /** Lets an instance have a body from which nothing follows for other ones. */
         void answer(int type, int body) {
             table.setNote(type, TypeTable.BODY, table.note(type, TypeTable.BODY) & ~(ALL << BITS) | body << BITS);
-            putBase(type, found(type));
+            table.setNote(type, TypeTable.BASE, foundBase(type, found(type)) + 2);
         }
 
         /** Lets an instance have whatever body, as there is no way to choose it. */
@@ -1660,24 +1688,57 @@ public final class Overloadery {
             return (table.note(type, TypeTable.BODY) & FREE) != 0;
         }
 
-        private void putBase(int type, int body) {
+        private int foundBase(int type, int body) {
             int template = TypeTable.templateOf(table.head(type));
-            int at = 0;
-            while (at < Templates.EACH && body != 1 << at) {
-                at++;
-            }
-            boolean isItself = at == Templates.EACH;
+            int at = index(body);
             bindings.empty(OF_BASE);
-            if (isItself) {
+            if (at == Templates.EACH) {
                 bindings.stand(OF_BASE, 0, table.first(type));
                 bindings.stand(OF_BASE, 1, table.second(type));
-            } else {
+            } else if (at < Templates.EACH) {
                 bindings.matches(OF_BASE, templates.pattern(template, at, 0), table.first(type));
                 bindings.matches(OF_BASE, templates.pattern(template, at, 1), table.second(type));
             }
-            int told = body == UNSURE_BIT ? NONE : templates.base(template, isItself ? ITSELF : at);
-            int base = told == NONE ? NONE : bindings.replaced(OF_BASE, told);
-            table.setNote(type, TypeTable.BASE, base + 2);
+            int told = at > Templates.EACH ? NONE : templates.base(template, at == Templates.EACH ? ITSELF : at);
+            return told == NONE ? NONE : bindings.replaced(OF_BASE, told);
+        }
+
+        private static int index(int body) {
+            int at = 0;
+            while (at <= Templates.EACH && body != 1 << at) {
+                at++;
+            }
+            return at;
+        }
+
+        /** Finds what would tell more: the base of an instance for one of its bodies. Tells whether there is room. */
+        boolean tell(int more) {
+            int type = more & PLACES;
+            int block = table.note(type, TypeTable.BLOCK) - 1;
+            if (block < 0) {
+                if (blockCount == BLOCKS) return false;
+                block = blockCount++;
+                if (blockCount * BLOCK > blocks.length) {
+                    blocks = Arrays.copyOf(blocks, Math.max(FEW_BLOCKS * BLOCK, blocks.length << MORE));
+                }
+                table.setNote(type, TypeTable.BLOCK, block + 1);
+                for (int i = 0; i < BLOCK; i++) {
+                    blocks[block * BLOCK + i] = 0;
+                }
+            }
+            int body = more >> BODY_AT;
+            blocks[block * BLOCK + index(body)] = foundBase(type, body) + 2;
+            return true;
+        }
+
+        /** Whether all bodies are looked at from now on that an instance can have. */
+        void goDeep(boolean isDeep) {
+            this.isDeep = isDeep;
+        }
+
+        /** From now on those are left out of what would tell more that were come to with this mark; none if it is 0. */
+        void putMark(int mark) {
+            this.mark = mark;
         }
 
         private boolean matches(int type, int specialisation) {
@@ -1702,7 +1763,7 @@ public final class Overloadery {
                 stopCounts[i] = 0;
                 int fits = matches(type, i) ? fits(i) : NO;
                 if (fits == YES) sure |= 1 << i;
-                if (fits == OPEN) maybe |= 1 << i;
+                if (fits == EITHER) maybe |= 1 << i;
             }
             open = 0;
             return maybe == 0 ? templates.chosen(template, sure) : combined();
@@ -1714,42 +1775,61 @@ public final class Overloadery {
             for (int i = 0; i < PARAMETERS; i++) {
                 if (!templates.suits(set, i, table.head(bindings.type(FITTING, i)))) return NO;
             }
+            asking = specialisation;
             long all = 0;
-            for (int i = 0; i < PARAMETERS; i++) {
+            int fits = YES;
+            for (int i = 0; i < PARAMETERS && fits != NO; i++) {
                 int classes = templates.wanted(set, i);
-                if (classes == 0) continue;
-                int leads = leads(bindings.type(FITTING, i), classes);
-                if (leads == OPEN) stops[specialisation * PARAMETERS + stopCounts[specialisation]++] = stop;
-                if (leads == NO) reasons |= reasonsOfOne;
-                if (leads == NO) return NO;
-                all |= reasonsOfOne;
+                reasonsOfOne = 0;
+                int leads = classes == 0 ? YES : leads(bindings.type(FITTING, i), classes, 0);
+                if (leads != YES) fits = leads;
+                all = leads == NO ? reasonsOfOne : all | reasonsOfOne;
             }
-            if (stopCounts[specialisation] > 0) return OPEN;
-            reasons |= all;
-            return YES;
+            if (fits == NO) stopCounts[specialisation] = 0;
+            if (fits != EITHER) reasons |= all;
+            return fits;
         }
 
-        /** Whether a type leads to all these classes, which are bits. */
-        private int leads(int type, int classes) {
-            reasonsOfOne = 0;
-            int at = type;
-            for (int step = 0; step <= STEPS; step++) {
-                int head = table.head(at);
-                if (TypeTable.isClass(head)) {
-                    return (classes & ~hierarchy.led(head - TypeTable.CLASS, step)) == 0 ? YES : NO;
-                }
-                if (TypeTable.isLike(head)) return (classes & ~table.first(at)) == 0 ? YES : NO;
-                if (!TypeTable.isInstance(head) || step == STEPS) return NO;
-                if ((classes & ~templates.led(TypeTable.templateOf(head), step)) != 0) return NO;
-                if ((table.note(at, TypeTable.BODY) & ALL) == 0) {
-                    stop = at;
-                    return OPEN;
-                }
-                reasonsOfOne |= table.reasons(at);
-                int base = table.note(at, TypeTable.BASE);
-                at = (base != 0 ? base : table.note(table.note(at, TypeTable.NORM) - 1, TypeTable.BASE)) - 2;
+        /** Whether a type that was come to by some steps leads to all these classes, which are bits. */
+        private int leads(int type, int classes, int step) {
+            int head = table.head(type);
+            if (TypeTable.isLike(head)) return (classes & ~table.first(type)) == 0 ? YES : NO;
+            if (TypeTable.isClass(head)) {
+                return (classes & ~hierarchy.led(head - TypeTable.CLASS, step)) == 0 ? YES : NO;
             }
-            return NO;
+            if (!TypeTable.isInstance(head) || step >= STEPS) return NO;
+            if ((classes & ~templates.led(TypeTable.templateOf(head), step)) != 0) return NO;
+            int set = table.note(type, TypeTable.BODY) & ALL;
+            boolean isKnown = set != 0 && (set & set - 1) == 0;
+            reasonsOfOne |= table.reasons(type);
+            if (isKnown) {
+                int base = table.note(type, TypeTable.BASE);
+                if (base == 0) base = table.note(table.note(type, TypeTable.NORM) - 1, TypeTable.BASE);
+                return leads(base - 2, classes, step + 1);
+            }
+            int block = table.note(type, TypeTable.BLOCK) - 1;
+            int answer = isDeep && set != 0 ? leadsByAny(type, classes, step, set, block) : EITHER;
+            int link = table.note(type, TypeTable.LINK);
+            boolean isNew = mark == 0 || link == 0 || link >= TRIED && link != mark;
+            if (answer == EITHER && isNew && stopCounts[asking] < MOST) {
+                stops[asking * MOST + stopCounts[asking]++] = type;
+            }
+            return answer;
+        }
+
+        /** The same for an instance that can have several bodies. */
+        private int leadsByAny(int type, int classes, int step, int set, int block) {
+            int answer = (set & UNSURE_BIT) == 0 ? 0 : NO;
+            for (int i = 0; i < BLOCK; i++) {
+                if ((set >> i & 1) == 0) continue;
+                int base = block < 0 ? 0 : blocks[block * BLOCK + i];
+                if (base != 0) answer |= leads(base - 2, classes, step + 1);
+                else answer = EITHER;
+                if (base == 0 && stopCounts[asking] < MOST) {
+                    stops[asking * MOST + stopCounts[asking]++] = type | 1 << i + BODY_AT;
+                }
+            }
+            return answer;
         }
 
         /** The bodies that can be chosen if some specialisations fit and others may; and what would tell more. */
@@ -1767,7 +1847,7 @@ public final class Overloadery {
             }
             for (int i = 0; i < Templates.EACH; i++) {
                 for (int j = 0; j < stopCounts[i] && (mattering >> i & 1) == 1; j++) {
-                    openStops[open++] = stops[i * PARAMETERS + j];
+                    openStops[open++] = stops[i * MOST + j];
                 }
             }
             return all;
@@ -1778,13 +1858,22 @@ public final class Overloadery {
             return reasons;
         }
 
-        /** How many instances without a body would tell more in the last look. */
+        /** How much there is that would tell more in the last look. */
         int open() {
             return open;
         }
 
+        /** An instance of which it would tell more what body it has. */
         int openStop(int at) {
-            return openStops[at];
+            return openStops[at] & PLACES;
+        }
+
+        /** What would tell more: the base of an instance for one of its bodies; NONE if there is none. */
+        int openBase() {
+            for (int i = 0; i < open; i++) {
+                if (openStops[i] > PLACES) return openStops[i];
+            }
+            return NONE;
         }
 
         /** The body that the last look has told, if what is open does not hold. */
@@ -1792,9 +1881,10 @@ public final class Overloadery {
             return templates.chosen(template, sure);
         }
 
-        /** From now on nothing is needed. */
-        void begin() {
+        /** To be called when the notes of all types were forgotten. */
+        void startAnew() {
             needed = NONE;
+            blockCount = 0;
         }
 
         /** Whether the body of an instance is to be found first for what was asked for. */
@@ -1835,7 +1925,8 @@ public final class Overloadery {
                         && (templates.led(TypeTable.templateOf(head), step) & templates.allWanted()) != 0;
                 if (!mayLead) return true;
                 stop = at;
-                if ((table.note(at, TypeTable.BODY) & ALL) == 0) return false;
+                int set = table.note(at, TypeTable.BODY) & ALL;
+                if (set == 0 || (set & set - 1) != 0) return false;
                 int base = table.note(at, TypeTable.BASE);
                 at = (base != 0 ? base : table.note(table.note(at, TypeTable.NORM) - 1, TypeTable.BASE)) - 2;
             }
@@ -1856,12 +1947,11 @@ public final class Overloadery {
                 if (TypeTable.isClass(head)) return hierarchy.led(head - TypeTable.CLASS, step) & templates.allWanted();
                 if (!TypeTable.isInstance(head) || step == STEPS) return 0;
                 if ((templates.led(TypeTable.templateOf(head), step) & templates.allWanted()) == 0) return 0;
-                if ((table.note(at, TypeTable.BODY) & FOUND) == 0) {
-                    if (needed == NONE) needed = at;
-                    return 0;
-                }
                 int base = table.note(at, TypeTable.BASE);
-                at = (base != 0 ? base : table.note(table.note(at, TypeTable.NORM) - 1, TypeTable.BASE)) - 2;
+                if (base == 0) base = table.note(table.note(at, TypeTable.NORM) - 1, TypeTable.BASE);
+                if (base == 0 && needed == NONE) needed = at;
+                if (base == 0) return 0;
+                at = base - 2;
             }
             return 0;
         }
@@ -1938,15 +2028,13 @@ public final class Overloadery {
         private static final int ANSWER = 12;
         private static final int DONE = 13;
         private static final int LIKEN = 14;
+        private static final int TELL = 15;
 
         /** How often instances are looked at: for a call of the face, and at least for what is asked for in it. */
         static final int LOOKS = 1 << 20;
         static final int FEW_LOOKS = 1 << 17;
         static final int LEAST_LOOKS = 1 << 12;
         private static final int MOST = 1 << 24;
-
-        /** The link of an instance that was tried in a round. */
-        private static final int TRIED = 1 << 20;
 
         /**
          * A guess: for whom, the bodies that are left to try, how many there were on the trail ahead of it, how many
@@ -1961,6 +2049,9 @@ public final class Overloadery {
         private static final int ROW = 5;
         private static final int LAST_BIT = 62;
         private static final int MOST_GUESSES = 1 << 12;
+        /** On the trail stands a type, and behind it the bodies that it could have ahead of that. */
+        private static final int SET_AT = 20;
+        private static final int PLACES = (1 << SET_AT) - 1;
         private static final int FEW_ON_TRAIL = 1 << 10;
         private static final int MOST_ON_TRAIL = 1 << 18;
         private static final int MORE = 4;
@@ -1991,6 +2082,8 @@ public final class Overloadery {
         private int guesses;
         private long[] rows = new long[0];
         /** The instances whose bodies depend on guesses, in their order; behind them the way to a circle. */
+        private boolean isDeep;
+        private int deepLimit;
         private int trailed;
         private int[] trail = new int[0];
         private long conflict;
@@ -2025,6 +2118,7 @@ public final class Overloadery {
                 return true;
             }
             limit = bodies.looks() + Math.max(LEAST_LOOKS, Math.min(looks, lastLimit - bodies.looks()));
+            deepLimit = bodies.looks() + (limit - bodies.looks()) / 2;
             asked = type;
             beginWith(type, false);
             if (bodies.isFree(type)) finish(Bodies.UNSURE_BIT);
@@ -2033,6 +2127,7 @@ public final class Overloadery {
                     case BEGIN: begin(); break;
                     case DERIVE: derive(); break;
                     case LIKEN: liken(); break;
+                    case TELL: tell(); break;
                     case KNOW: know(); break;
                     case JUDGE: judge(); break;
                     case CHECK: check(); break;
@@ -2068,7 +2163,7 @@ public final class Overloadery {
         private void begin() {
             undo(0);
             guesses = 0;
-            startRound();
+            goDeep(false);
             phase = JUDGE;
         }
 
@@ -2078,8 +2173,16 @@ public final class Overloadery {
             hasProgress = false;
         }
 
+        /** From now on all bodies are looked at that instances can have, or not. */
+        private void goDeep(boolean isDeep) {
+            this.isDeep = isDeep;
+            bodies.goDeep(isDeep);
+            startRound();
+        }
+
         private boolean isOut() {
-            return bodies.looks() >= limit || table.isFull() || trailed + 1 >= MOST_ON_TRAIL;
+            int last = isDeep ? deepLimit : limit;
+            return bodies.looks() >= last || table.isFull() || trailed + 1 >= MOST_ON_TRAIL;
         }
 
         /** Lets an instance have a body next, which depends on some guesses, given as bits. */
@@ -2091,14 +2194,22 @@ public final class Overloadery {
         }
 
         private void know() {
+            int before = bodies.set(one);
             table.makeRoom();
             bodies.know(one, newBody);
             hasProgress = true;
             phase = top == NONE ? JUDGE : DERIVE;
             if (newReasons == 0) return;
             table.setReasons(one, newReasons);
-            putOnTrail(trailed, one);
+            putOnTrail(trailed, before << SET_AT | one);
             trailed++;
+        }
+
+        /** Finds one of several bases of an instance that would tell more. */
+        private void tell() {
+            table.makeRoom();
+            if (!bodies.tell(one)) deepLimit = 0;
+            phase = top == NONE ? JUDGE : DERIVE;
         }
 
         private void answer() {
@@ -2117,31 +2228,44 @@ public final class Overloadery {
         private void undo(int left) {
             while (trailed > left) {
                 trailed--;
-                bodies.forget(trail[trailed]);
-                table.setReasons(trail[trailed], 0);
+                int type = trail[trailed] & PLACES;
+                bodies.forget(type, trail[trailed] >> SET_AT);
+                table.setReasons(type, 0);
             }
         }
 
         /** Goes from an instance to those that matter for it, and finds the bodies of these first. */
         private void derive() {
-            boolean doesLiken = !isTrying && likeness.isOfUse() && table.count() > MANY;
+            bodies.putMark(tried());
+            boolean doesLiken = !isTrying && !isDeep && likeness.isOfUse() && table.count() > MANY;
             for (int i = 0; i < MOST && top != NONE && phase == DERIVE; i++) {
                 boolean isOut = isOut();
                 if (doesLiken && !isOut && table.note(top, TypeTable.NORM) != top + 1) {
                     phase = LIKEN;
                     return;
                 }
-                int set = isOut ? 0 : bodies.look(top);
+                int set = isOut ? 0 : narrowed(top, bodies.look(top));
                 int next = Integer.bitCount(set) > 1 ? nextToAsk() : NONE;
                 int type = top;
-                if (next != NONE) {
+                if (phase == DERIVE && next != NONE) {
                     goTo(next);
-                } else {
+                } else if (phase == DERIVE) {
                     leaveTop();
                     if (Integer.bitCount(set) == 1) willKnow(type, set, bodies.reasons());
                 }
             }
             if (phase == DERIVE) phase = JUDGE;
+        }
+
+        /** The bodies that an instance can have, for those that were told by a look; they are kept for a deep look. */
+        private int narrowed(int type, int set) {
+            int before = bodies.set(type);
+            int after = before == 0 || (before & set) == 0 ? set : before & set;
+            if (isDeep && after != before && Integer.bitCount(after) > 1) {
+                bodies.putSet(type, after);
+                hasProgress = true;
+            }
+            return after;
         }
 
         private void goTo(int next) {
@@ -2186,15 +2310,24 @@ public final class Overloadery {
         }
 
         private int tried() {
-            return TRIED | round & TRIED - 1;
+            return Bodies.TRIED | round & Bodies.TRIED - 1;
         }
 
-        /** The smallest one that matters in the last look and was not come to in this round; NONE if there is none. */
+        /**
+         * The smallest one that matters in the last look and was not come to in this round; NONE if there is none, or if a
+         * base is to be found first.
+         */
         private int nextToAsk() {
+            int base = bodies.openBase();
+            if (base != NONE) {
+                one = base;
+                phase = TELL;
+                return NONE;
+            }
             int next = NONE;
             for (int i = 0; i < bodies.open(); i++) {
                 int stop = bodies.openStop(i);
-                if (isNew(stop) && (next == NONE || table.size(stop) < table.size(next))) next = stop;
+                if (next == NONE || table.size(stop) < table.size(next)) next = stop;
             }
             return next;
         }
@@ -2202,32 +2335,45 @@ public final class Overloadery {
         /** Whether an instance was not come to in this round. */
         private boolean isNew(int type) {
             int link = table.note(type, TypeTable.LINK);
-            return link == 0 || link >= TRIED && link != tried();
+            return link == 0 || link >= Bodies.TRIED && link != tried();
         }
 
         /** Looks at the last guess that was not seen to go with what follows from it, or else at the goal. */
         private void judge() {
             int at = lastUnseen();
-            one = at == NONE ? nextGoal() : (int) row(at, GUESSED);
-            if (one == NONE || isOut()) {
-                phase = one == NONE ? WAY : OUT;
+            int type = at == NONE ? nextGoal() : (int) row(at, GUESSED);
+            bodies.putMark(tried());
+            top = NONE;
+            one = type;
+            if (type == NONE || isOut()) {
+                phase = type == NONE ? WAY : isDeep ? CHECK : OUT;
                 return;
             }
-            int set = bodies.look(one);
-            top = nextToAsk();
-            if (at != NONE && (set & bodies.known(one)) == 0) {
+            int seen = bodies.look(type);
+            int set = at == NONE ? narrowed(type, seen) : seen & bodies.known(type);
+            if (set == 0) {
                 clash(at);
-            } else if (Integer.bitCount(set) == 1) {
-                top = NONE;
-                if (at == NONE) willKnow(one, set, bodies.reasons());
+            } else if (Integer.bitCount(at == NONE ? set : seen) == 1) {
+                if (at == NONE) willKnow(type, set, bodies.reasons());
                 else setRow(at, SEEN, guesses);
-            } else if (top != NONE) {
+            } else {
+                goFrom();
+            }
+        }
+
+        /** Goes from an instance that was looked at to one that matters for it, or finds what else is to be done. */
+        private void goFrom() {
+            int next = nextToAsk();
+            if (phase == TELL) return;
+            if (next != NONE) {
+                top = next;
                 table.setNote(top, TypeTable.LINK, 1);
                 phase = DERIVE;
             } else if (hasProgress) {
                 startRound();
+            } else if (!isTrying && !isDeep && bodies.looks() < deepLimit) {
+                goDeep(true);
             } else {
-                if (at != NONE) one = bodies.openStop(0);
                 phase = CHECK;
             }
         }
@@ -2267,6 +2413,8 @@ public final class Overloadery {
 
         /** Looks whether all guesses go with what is known by now. */
         private void check() {
+            goDeep(false);
+            bodies.putMark(0);
             phase = CIRCLE;
             for (int i = 0; i < guesses && phase == CIRCLE; i++) {
                 int type = (int) row(i, GUESSED);
@@ -2279,7 +2427,8 @@ public final class Overloadery {
         private void goRound() {
             int at = 0;
             int height = 0;
-            int next = one;
+            bodies.look(one);
+            int next = bodies.known(one) == 0 ? one : bodies.openStop(0);
             one = NONE;
             for (int i = 0; i < MOST && one == NONE; i++) {
                 if (next != NONE) {
@@ -2328,7 +2477,9 @@ public final class Overloadery {
                 rows = Arrays.copyOf(rows, Math.max(FEW_ON_TRAIL, rows.length << MORE));
             }
             setRow(guesses, GUESSED, one);
-            setRow(guesses, UNTRIED, bodies.look(one));
+            int set = bodies.look(one);
+            int before = bodies.set(one);
+            setRow(guesses, UNTRIED, (before & set) == 0 ? set : before & set);
             setRow(guesses, TRAIL, trailed);
             setRow(guesses, CONFLICT, 0);
             guesses++;
@@ -2402,7 +2553,7 @@ public final class Overloadery {
         /** Goes on with what follows from the only way. */
         private void keepWay() {
             for (int i = 0; i < trailed; i++) {
-                table.setReasons(trail[i], 0);
+                table.setReasons(trail[i] & PLACES, 0);
             }
             trailed = 0;
             beginWith(asked, false);
