@@ -1026,7 +1026,8 @@ public final class Overloadery {
             int like = TypeTable.likeHead(head);
             for (int i = set * MOST_CONSTRAINTS; i < set * MOST_CONSTRAINTS + constraintCounts[set]; i++) {
                 char letter = letters[i];
-                int asked = letter == 'p' ? TypeTable.LIKE_POINTER : letter == 'b' ? TypeTable.LIKE_BASIC : TypeTable.LIKE_CLASS;
+                int asked = letter == 'p' ? TypeTable.LIKE_POINTER
+                        : letter == 'b' ? TypeTable.LIKE_BASIC : TypeTable.LIKE_CLASS;
                 if (constrained[i] == parameter && like != asked) return false;
             }
             return true;
@@ -1573,6 +1574,13 @@ public final class Overloadery {
         private static final int ALL = (1 << BITS) - 1;
         /** Noted are the bodies that can be, behind them that which is an answer alone, and whether it can be any one. */
         private static final int FREE = 1 << BITS + BITS;
+        /**
+         * The manners to look: from one that is known on to the base of what stands for all like it, if its own one was not
+         * found; only to its own one; and to those for all bodies that an instance can have.
+         */
+        static final int BY_LIKENESS = 0;
+        static final int PLAIN = 1;
+        static final int DEEP = 2;
         /** The link of an instance that was come to in the round with this mark. */
         static final int TRIED = 1 << 20;
 
@@ -1604,8 +1612,7 @@ public final class Overloadery {
         private int blockCount;
         private int looks;
         private int needed;
-        /** Whether all bodies are looked at that an instance can have, or only one that is known. */
-        private boolean isDeep;
+        private int manner;
         private int mark;
         /** What the last look has told: the specialisations that fit, and those that may, as bits. */
         private int template;
@@ -1658,19 +1665,13 @@ public final class Overloadery {
 
         /** Takes such a body away, and gives back those that the instance could have. */
         void forget(int type, int set) {
-            putSet(type, set);
+            table.setNote(type, TypeTable.BODY, table.note(type, TypeTable.BODY) & ~ALL | set);
             table.setNote(type, TypeTable.BASE, 0);
         }
 
         /** Lets an instance have the body of what stands for all that are like it; its own base is not needed for that. */
         void share(int type) {
             putSet(type, known(table.note(type, TypeTable.NORM) - 1));
-        }
-
-        /** Finds the base of an instance whose body was found. */
-        void complete(int type) {
-            boolean isMissing = table.note(type, TypeTable.BASE) == 0;
-            if (isMissing) table.setNote(type, TypeTable.BASE, foundBase(type, found(type)) + 2);
         }
 
         /** Lets an instance have a body from which nothing follows for other ones. */
@@ -1714,6 +1715,11 @@ public final class Overloadery {
         /** Finds what would tell more: the base of an instance for one of its bodies. Tells whether there is room. */
         boolean tell(int more) {
             int type = more & PLACES;
+            int body = more >> BODY_AT;
+            if (known(type) != 0) {
+                table.setNote(type, TypeTable.BASE, foundBase(type, body) + 2);
+                return true;
+            }
             int block = table.note(type, TypeTable.BLOCK) - 1;
             if (block < 0) {
                 if (blockCount == BLOCKS) return false;
@@ -1726,14 +1732,16 @@ public final class Overloadery {
                     blocks[block * BLOCK + i] = 0;
                 }
             }
-            int body = more >> BODY_AT;
             blocks[block * BLOCK + index(body)] = foundBase(type, body) + 2;
             return true;
         }
 
-        /** Whether all bodies are looked at from now on that an instance can have. */
-        void goDeep(boolean isDeep) {
-            this.isDeep = isDeep;
+        void putManner(int manner) {
+            this.manner = manner;
+        }
+
+        int manner() {
+            return manner;
         }
 
         /** From now on those are left out of what would tell more that were come to with this mark; none if it is 0. */
@@ -1802,16 +1810,16 @@ public final class Overloadery {
             int set = table.note(type, TypeTable.BODY) & ALL;
             boolean isKnown = set != 0 && (set & set - 1) == 0;
             reasonsOfOne |= table.reasons(type);
-            if (isKnown) {
-                int base = table.note(type, TypeTable.BASE);
-                if (base == 0) base = table.note(table.note(type, TypeTable.NORM) - 1, TypeTable.BASE);
-                return leads(base - 2, classes, step + 1);
-            }
+            int base = isKnown ? table.note(type, TypeTable.BASE) : 0;
+            boolean isLent = isKnown && base == 0 && manner == BY_LIKENESS;
+            if (isLent) base = table.note(table.note(type, TypeTable.NORM) - 1, TypeTable.BASE);
+            if (base != 0) return leads(base - 2, classes, step + 1);
             int block = table.note(type, TypeTable.BLOCK) - 1;
-            int answer = isDeep && set != 0 ? leadsByAny(type, classes, step, set, block) : EITHER;
+            boolean isAny = isKnown || manner == DEEP && set != 0;
+            int answer = isAny ? leadsByAny(type, classes, step, set, block) : EITHER;
             int link = table.note(type, TypeTable.LINK);
             boolean isNew = mark == 0 || link == 0 || link >= TRIED && link != mark;
-            if (answer == EITHER && isNew && stopCounts[asking] < MOST) {
+            if (answer == EITHER && !isKnown && isNew && stopCounts[asking] < MOST) {
                 stops[asking * MOST + stopCounts[asking]++] = type;
             }
             return answer;
@@ -1819,6 +1827,7 @@ public final class Overloadery {
 
         /** The same for an instance that can have several bodies. */
         private int leadsByAny(int type, int classes, int step, int set, int block) {
+            looks++;
             int answer = (set & UNSURE_BIT) == 0 ? 0 : NO;
             for (int i = 0; i < BLOCK; i++) {
                 if ((set >> i & 1) == 0) continue;
@@ -1863,9 +1872,9 @@ public final class Overloadery {
             return open;
         }
 
-        /** An instance of which it would tell more what body it has. */
+        /** An instance of which it would tell more what body it has; NONE if it is one of its bases. */
         int openStop(int at) {
-            return openStops[at] & PLACES;
+            return openStops[at] > PLACES ? NONE : openStops[at];
         }
 
         /** What would tell more: the base of an instance for one of its bodies; NONE if there is none. */
@@ -1915,7 +1924,7 @@ public final class Overloadery {
             return base == 0 ? NONE : base - 2;
         }
 
-        /** Whether it is known to what a type leads; if not, one without a body is where the way stops. */
+        /** Whether it is known to what a type leads, by likeness; if not, one without a body is where the way stops. */
         boolean isLedKnown(int type) {
             looks++;
             int at = type;
@@ -1938,8 +1947,11 @@ public final class Overloadery {
             return stop;
         }
 
-        /** The classes to which a type leads and for which a specialisation asks, as bits, unless a body is needed first. */
-        int led(int type) {
+        /**
+         * The classes to which a type leads and for which a specialisation asks, as bits; by likeness, or else a base may be
+         * needed first.
+         */
+        int led(int type, boolean isByLikeness) {
             int at = type;
             for (int step = 0; step <= STEPS; step++) {
                 int head = table.head(at);
@@ -1948,7 +1960,8 @@ public final class Overloadery {
                 if (!TypeTable.isInstance(head) || step == STEPS) return 0;
                 if ((templates.led(TypeTable.templateOf(head), step) & templates.allWanted()) == 0) return 0;
                 int base = table.note(at, TypeTable.BASE);
-                if (base == 0) base = table.note(table.note(at, TypeTable.NORM) - 1, TypeTable.BASE);
+                boolean isLent = base == 0 && isByLikeness;
+                if (isLent) base = table.note(table.note(at, TypeTable.NORM) - 1, TypeTable.BASE);
                 if (base == 0 && needed == NONE) needed = at;
                 if (base == 0) return 0;
                 at = base - 2;
@@ -2006,103 +2019,261 @@ public final class Overloadery {
     }
 
     /**
+     * The guesses of a search, and the instances whose bodies depend on them. Which guesses these are is told by bits, the
+     * last of which is for all guesses behind the others.
+     */
+    private static final class Guesses {
+        private static final int LAST_BIT = 62;
+
+        /**
+         * A guess: for whom, the bodies that are left to try, how many there were on the trail ahead of it, how many
+         * guesses there were when it was seen to go with what follows from it, 0 if it was not; and the earlier guesses
+         * with which the bodies that were tried do not go.
+         */
+        private static final int GUESSED = 0;
+        private static final int UNTRIED = 1;
+        private static final int AHEAD = 2;
+        private static final int SEEN = 3;
+        private static final int CONFLICT = 4;
+        private static final int ROW = 5;
+        private static final int MOST = 1 << 12;
+
+        /** On the trail stands a type, and behind it the bodies that it could have ahead of that. */
+        private static final int SET_AT = 20;
+        private static final int PLACES = (1 << SET_AT) - 1;
+        private static final int MOST_ON_TRAIL = 1 << 18;
+        private static final int FEW = 1 << 10;
+        private static final int MORE = 4;
+
+        private final TypeTable table;
+        private final Bodies bodies;
+        private int count;
+        private long[] rows = new long[0];
+        private int trailed;
+        private int[] trail = new int[0];
+        /** The guesses that do not go with one another. */
+        private long conflict;
+
+        Guesses(TypeTable table, Bodies bodies) {
+            this.table = table;
+            this.bodies = bodies;
+        }
+
+        int count() {
+            return count;
+        }
+
+        boolean isFull() {
+            return count >= MOST || trailed + 1 >= MOST_ON_TRAIL;
+        }
+
+        /** The instance for which was guessed. */
+        int type(int guess) {
+            return (int) rows[guess * ROW + GUESSED];
+        }
+
+        /** The one for which was guessed first, also if that was taken back. */
+        int first() {
+            return rows.length > 0 ? (int) rows[GUESSED] : NONE;
+        }
+
+        boolean isSeen(int guess) {
+            return rows[guess * ROW + SEEN] != 0;
+        }
+
+        /** Notes that a guess goes with what follows from it. */
+        void see(int guess) {
+            rows[guess * ROW + SEEN] = count;
+        }
+
+        /** The last guess that was not seen to go with what follows from it, NONE if there is none. */
+        int lastUnseen() {
+            for (int i = count - 1; i >= 0; i--) {
+                if (rows[i * ROW + SEEN] == 0) return i;
+            }
+            return NONE;
+        }
+
+        boolean hasUntried() {
+            for (int i = 0; i < count; i++) {
+                if (rows[i * ROW + UNTRIED] != 0) return true;
+            }
+            return false;
+        }
+
+        static long bit(int guess) {
+            return 1L << Math.min(guess, LAST_BIT);
+        }
+
+        long all() {
+            return count > LAST_BIT ? Long.MAX_VALUE : (1L << count) - 1;
+        }
+
+        void put(int type, int set) {
+            if ((count + 1) * ROW > rows.length) rows = Arrays.copyOf(rows, Math.max(FEW * ROW, rows.length << MORE));
+            rows[count * ROW + GUESSED] = type;
+            rows[count * ROW + UNTRIED] = set;
+            rows[count * ROW + AHEAD] = trailed;
+            rows[count * ROW + CONFLICT] = 0;
+            count++;
+        }
+
+        /** The next body to try for the last guess, that of the template itself first, no sure body last. */
+        int next() {
+            int row = (count - 1) * ROW;
+            int left = (int) rows[row + UNTRIED];
+            int body = (left & Bodies.ITSELF_BIT) != 0 ? Bodies.ITSELF_BIT : left & -left;
+            rows[row + UNTRIED] = left & ~body;
+            // Where there is no way to choose the body of an instance, each one goes.
+            rows[row + SEEN] = bodies.isFree(type(count - 1)) ? 1 : 0;
+            return body;
+        }
+
+        /** Notes that the body of an instance depends on some guesses, and which ones it could have ahead of that. */
+        void putOnTrail(int type, int before, long reasons) {
+            table.setReasons(type, reasons);
+            if (trailed == trail.length) trail = Arrays.copyOf(trail, Math.max(FEW, trailed << MORE));
+            trail[trailed] = before << SET_AT | type;
+            trailed++;
+        }
+
+        void clash(long reasons) {
+            conflict = reasons;
+        }
+
+        boolean doClash() {
+            return conflict != 0;
+        }
+
+        /** Takes back the last guess on which the clash depends, and those behind it. Tells whether there is a body to try. */
+        boolean goBack() {
+            boolean isHigh = count > LAST_BIT && conflict >> LAST_BIT != 0;
+            int at = isHigh ? count - 1 : LAST_BIT + 1 - Long.numberOfLeadingZeros(conflict);
+            int row = at * ROW;
+            undo((int) rows[row + AHEAD]);
+            for (int i = 0; i < at; i++) {
+                if (rows[i * ROW + SEEN] > at) rows[i * ROW + SEEN] = 0;
+            }
+            if (at <= LAST_BIT) conflict &= ~bit(at);
+            conflict |= rows[row + CONFLICT];
+            rows[row + CONFLICT] = conflict;
+            boolean hasMore = rows[row + UNTRIED] != 0;
+            count = hasMore ? at + 1 : at;
+            return hasMore;
+        }
+
+        /** Takes all guesses back. */
+        void clear() {
+            undo(0);
+            count = 0;
+        }
+
+        private void undo(int left) {
+            while (trailed > left) {
+                trailed--;
+                int type = trail[trailed] & PLACES;
+                bodies.forget(type, trail[trailed] >> SET_AT);
+                table.setReasons(type, 0);
+            }
+        }
+
+        /** Lets all bodies that depend on the guesses be known. */
+        void keep() {
+            for (int i = 0; i < trailed; i++) {
+                table.setReasons(trail[i] & PLACES, 0);
+            }
+            trailed = 0;
+            count = 0;
+        }
+    }
+
+    /**
      * Finds the bodies of instances, of each one behind those that matter for it. Where instances ask for one another in
      * a circle, a body is guessed for one of them, which must go with what follows from it. Where just one way goes with
-     * the document, it is this one. The document is silent about several ways, of which it is the first one, or one that
-     * goes with all types that have a number; and about none, where the body is not sure.
+     * the document, it is this one. The document is silent about several ways, and about none.
      */
     private static final class Search {
         /** What is to be done next. */
         private static final int BEGIN = 0;
-        private static final int DERIVE = 1;
-        private static final int KNOW = 2;
-        private static final int JUDGE = 3;
-        private static final int CHECK = 4;
-        private static final int CIRCLE = 5;
-        private static final int GUESS = 6;
-        private static final int TRY = 7;
-        private static final int CLASH = 8;
-        private static final int WAY = 9;
-        private static final int NO_OTHER = 10;
-        private static final int OUT = 11;
-        private static final int ANSWER = 12;
-        private static final int DONE = 13;
-        private static final int LIKEN = 14;
-        private static final int TELL = 15;
+        private static final int JUDGE = 1;
+        private static final int DERIVE = 2;
+        private static final int LIKEN = 3;
+        private static final int TELL = 4;
+        private static final int KNOW = 5;
+        private static final int CHECK = 6;
+        private static final int CIRCLE = 7;
+        private static final int GUESS = 8;
+        private static final int TRY = 9;
+        private static final int CLASH = 10;
+        private static final int WAY = 11;
+        private static final int NO_OTHER = 12;
+        private static final int GATHER = 13;
+        private static final int OUT = 14;
+        private static final int ANSWER = 15;
+        private static final int DONE = 16;
+
+        /**
+         * What is looked for: what follows without guesses; a way to choose bodies; the only way once more; a way for all
+         * instances on which the goal may depend, and for all types that have a number.
+         */
+        private static final int SURE = 0;
+        private static final int TRIAL = 1;
+        private static final int AGAIN = 2;
+        private static final int WIDE = 3;
+        private static final int WIDEST = 4;
 
         /** How often instances are looked at: for a call of the face, and at least for what is asked for in it. */
         static final int LOOKS = 1 << 20;
         static final int FEW_LOOKS = 1 << 17;
         static final int LEAST_LOOKS = 1 << 12;
         private static final int MOST = 1 << 24;
-
-        /**
-         * A guess: for whom, the bodies that are left to try, how many there were on the trail ahead of it, how many
-         * guesses there were when it was seen to go with what follows from it, 0 if it was not; and the earlier guesses
-         * with which the bodies that were tried do not go, as bits, the last of which is for all others.
-         */
-        private static final int GUESSED = 0;
-        private static final int UNTRIED = 1;
-        private static final int TRAIL = 2;
-        private static final int SEEN = 3;
-        private static final int CONFLICT = 4;
-        private static final int ROW = 5;
-        private static final int LAST_BIT = 62;
-        private static final int MOST_GUESSES = 1 << 12;
-        /** On the trail stands a type, and behind it the bodies that it could have ahead of that. */
-        private static final int SET_AT = 20;
-        private static final int PLACES = (1 << SET_AT) - 1;
-        private static final int FEW_ON_TRAIL = 1 << 10;
-        private static final int MOST_ON_TRAIL = 1 << 18;
-        private static final int MORE = 4;
         /** With more types than these, instances are looked at together with those that are like them. */
         static final int MANY = 1 << 11;
+        private static final int FEW_ON_PATH = 1 << 10;
+        private static final int MOST_ON_PATH = 1 << 18;
+        private static final int MOST_GATHERED = 1 << 12;
+        private static final int MORE = 4;
 
         private final TypeTable table;
         private final Bodies bodies;
         private final Likeness likeness;
+        private final Guesses guesses;
         private int phase;
+        private int mode;
         /** The instance whose body was asked for, and that for which a way is looked for. */
         private int asked;
         private int goal;
         private int limit;
         private int lastLimit;
+        private int deepLimit;
         /** Those for which nothing was found in the round that goes on are linked with its number. */
         private int round;
         private boolean hasProgress;
         /** The one at the end of the way from one to those that matter for it, and so on; NONE if there is no such way. */
         private int top;
-        /** The one that gets a body next, or that is next in another way. */
+        /** The one that is next; the body that it gets, and the guesses on which this depends. */
         private int one;
         private int newBody;
         private long newReasons;
-        private boolean isTrying;
-        private boolean isWide;
-        private boolean isWideInVain;
-        private int guesses;
-        private long[] rows = new long[0];
-        /** The instances whose bodies depend on guesses, in their order; behind them the way to a circle. */
-        private boolean isDeep;
-        private int deepLimit;
-        private int trailed;
-        private int[] trail = new int[0];
-        private long conflict;
-        /** The body of the goal in the first way, 0 if there was none; whether there was one way; it is gone again. */
+        /** The body of the goal in the first way, 0 if there is none; whether there is no other way; and when it was TRIAL. */
         private int found;
         private boolean isSole;
-        private boolean isAgain;
+        private int firstFound;
+        /** The instances that were gathered; behind them the way to a circle. */
+        private int gathered;
+        private int[] path = new int[0];
 
         Search(TypeTable table, Bodies bodies, Likeness likeness) {
             this.table = table;
             this.bodies = bodies;
             this.likeness = likeness;
+            guesses = new Guesses(table, bodies);
         }
 
         /** To be called when the notes of all types were forgotten; from now on there are so many looks. */
         void startAnew(int looks) {
             lastLimit = bodies.looks() + looks;
             round = 0;
-            isWideInVain = false;
         }
 
         /** Whether all looks are used up. */
@@ -2112,24 +2283,20 @@ public final class Overloadery {
 
         /** Finds the body of an instance if so many looks are enough, and tells whether they are. */
         boolean finds(int type, int looks) {
-            if (bodies.found(type) != 0) {
-                table.makeRoom();
-                bodies.complete(type);
-                return true;
-            }
             limit = bodies.looks() + Math.max(LEAST_LOOKS, Math.min(looks, lastLimit - bodies.looks()));
             deepLimit = bodies.looks() + (limit - bodies.looks()) / 2;
             asked = type;
-            beginWith(type, false);
+            beginWith(type, SURE);
             if (bodies.isFree(type)) finish(Bodies.UNSURE_BIT);
+            if (bodies.found(type) != 0) finish(bodies.found(type));
             for (int i = 0; i < MOST && phase != DONE; i++) {
                 switch (phase) {
                     case BEGIN: begin(); break;
+                    case JUDGE: judge(); break;
                     case DERIVE: derive(); break;
                     case LIKEN: liken(); break;
                     case TELL: tell(); break;
                     case KNOW: know(); break;
-                    case JUDGE: judge(); break;
                     case CHECK: check(); break;
                     case CIRCLE: goRound(); break;
                     case GUESS: guess(); break;
@@ -2137,6 +2304,7 @@ public final class Overloadery {
                     case CLASH: goBack(); break;
                     case WAY: takeWay(); break;
                     case NO_OTHER: end(); break;
+                    case GATHER: gather(); break;
                     case OUT: giveUp(); break;
                     default: answer();
                 }
@@ -2151,20 +2319,23 @@ public final class Overloadery {
             bodies.answer(type, bodies.chosenAtLeast());
         }
 
-        private void beginWith(int type, boolean doesTry) {
+        private void beginWith(int type, int mode) {
             goal = type;
-            isTrying = doesTry;
-            isWide = false;
-            isAgain = false;
-            found = 0;
+            this.mode = mode;
+            if (mode != AGAIN) found = 0;
             phase = BEGIN;
         }
 
         private void begin() {
-            undo(0);
-            guesses = 0;
-            goDeep(false);
+            guesses.clear();
+            if (mode != WIDE) gathered = 0;
+            lookSo(mode == SURE ? Bodies.BY_LIKENESS : Bodies.PLAIN);
             phase = JUDGE;
+        }
+
+        private void lookSo(int manner) {
+            bodies.putManner(manner);
+            startRound();
         }
 
         /** From now on all those can be asked again for which nothing could be found. */
@@ -2173,144 +2344,86 @@ public final class Overloadery {
             hasProgress = false;
         }
 
-        /** From now on all bodies are looked at that instances can have, or not. */
-        private void goDeep(boolean isDeep) {
-            this.isDeep = isDeep;
-            bodies.goDeep(isDeep);
-            startRound();
+        private int tried() {
+            return Bodies.TRIED | round & Bodies.TRIED - 1;
+        }
+
+        /** Whether an instance was not come to in this round. */
+        private boolean isNew(int type) {
+            int link = table.note(type, TypeTable.LINK);
+            return link == 0 || link >= Bodies.TRIED && link != tried();
         }
 
         private boolean isOut() {
-            int last = isDeep ? deepLimit : limit;
-            return bodies.looks() >= last || table.isFull() || trailed + 1 >= MOST_ON_TRAIL;
+            int last = bodies.manner() == Bodies.DEEP ? deepLimit : limit;
+            return bodies.looks() >= last || table.isFull() || guesses.isFull();
         }
 
-        /** Lets an instance have a body next, which depends on some guesses, given as bits. */
-        private void willKnow(int type, int body, long reasons) {
-            one = type;
-            newBody = body;
-            newReasons = reasons;
-            phase = KNOW;
-        }
-
-        private void know() {
-            int before = bodies.set(one);
-            table.makeRoom();
-            bodies.know(one, newBody);
-            hasProgress = true;
-            phase = top == NONE ? JUDGE : DERIVE;
-            if (newReasons == 0) return;
-            table.setReasons(one, newReasons);
-            putOnTrail(trailed, before << SET_AT | one);
-            trailed++;
-        }
-
-        /** Finds one of several bases of an instance that would tell more. */
-        private void tell() {
-            table.makeRoom();
-            if (!bodies.tell(one)) deepLimit = 0;
-            phase = top == NONE ? JUDGE : DERIVE;
-        }
-
-        private void answer() {
-            undo(0);
-            table.makeRoom();
-            bodies.answer(asked, newBody);
-            phase = DONE;
-        }
-
-        private void putOnTrail(int at, int type) {
-            if (at >= trail.length) trail = Arrays.copyOf(trail, Math.max(FEW_ON_TRAIL, trail.length << MORE));
-            trail[at] = type;
-        }
-
-        /** Takes the bodies away that came behind so many. */
-        private void undo(int left) {
-            while (trailed > left) {
-                trailed--;
-                int type = trail[trailed] & PLACES;
-                bodies.forget(type, trail[trailed] >> SET_AT);
-                table.setReasons(type, 0);
+        /** Looks at the last guess that was not seen to go with what follows from it, or else at the goal. */
+        private void judge() {
+            int at = guesses.lastUnseen();
+            top = NONE;
+            one = at == NONE ? nextGoal() : guesses.type(at);
+            if (one == NONE || isOut()) {
+                phase = one == NONE ? WAY : bodies.manner() == Bodies.DEEP ? CHECK : OUT;
+                return;
             }
-        }
-
-        /** Goes from an instance to those that matter for it, and finds the bodies of these first. */
-        private void derive() {
             bodies.putMark(tried());
-            boolean doesLiken = !isTrying && !isDeep && likeness.isOfUse() && table.count() > MANY;
-            for (int i = 0; i < MOST && top != NONE && phase == DERIVE; i++) {
-                boolean isOut = isOut();
-                if (doesLiken && !isOut && table.note(top, TypeTable.NORM) != top + 1) {
-                    phase = LIKEN;
-                    return;
-                }
-                int set = isOut ? 0 : narrowed(top, bodies.look(top));
-                int next = Integer.bitCount(set) > 1 ? nextToAsk() : NONE;
-                int type = top;
-                if (phase == DERIVE && next != NONE) {
-                    goTo(next);
-                } else if (phase == DERIVE) {
-                    leaveTop();
-                    if (Integer.bitCount(set) == 1) willKnow(type, set, bodies.reasons());
-                }
+            int seen = bodies.look(one);
+            int set = at == NONE ? narrowed(one, seen) : seen & bodies.known(one);
+            if (set == 0) {
+                clash(at);
+            } else if (Integer.bitCount(at == NONE ? set : seen) > 1) {
+                goFrom();
+            } else if (at == NONE) {
+                willKnow(one, set, bodies.reasons());
+            } else {
+                guesses.see(at);
             }
-            if (phase == DERIVE) phase = JUDGE;
+        }
+
+        private int nextGoal() {
+            for (int i = 0; i < gathered && mode == WIDE; i++) {
+                if (bodies.known(path[i]) == 0) return path[i];
+            }
+            for (int i = 0; i < table.numbered() && mode == WIDEST; i++) {
+                int type = table.place(i);
+                boolean isClosed = TypeTable.isInstance(table.head(type)) && !table.isOpen(type);
+                if (isClosed && bodies.known(type) == 0) return type;
+            }
+            return bodies.known(goal) == 0 ? goal : NONE;
         }
 
         /** The bodies that an instance can have, for those that were told by a look; they are kept for a deep look. */
         private int narrowed(int type, int set) {
             int before = bodies.set(type);
             int after = before == 0 || (before & set) == 0 ? set : before & set;
-            if (isDeep && after != before && Integer.bitCount(after) > 1) {
+            if (bodies.manner() == Bodies.DEEP && after != before && Integer.bitCount(after) > 1) {
                 bodies.putSet(type, after);
                 hasProgress = true;
             }
             return after;
         }
 
-        private void goTo(int next) {
-            table.setNote(next, TypeTable.LINK, top + 2);
-            top = next;
-        }
-
-        private void leaveTop() {
-            int below = table.note(top, TypeTable.LINK) - 2;
-            table.setNote(top, TypeTable.LINK, tried());
-            top = below;
-        }
-
-        /**
-         * Where there are many types, goes from an instance to what stands for all that are like it, and gives it the body
-         * of this. If that can't be told, or its body can't be found, the instance stands for itself.
-         */
-        private void liken() {
-            phase = DERIVE;
-            table.makeRoom();
-            int like = table.note(top, TypeTable.NORM) - 1;
-            int parts = like == NONE ? likeness.parts(top) : 0;
-            boolean isKnown = true;
-            for (int i = 0; i < parts && isKnown; i++) {
-                isKnown = bodies.isLedKnown(likeness.part(i));
-            }
-            if (!isKnown && isNew(bodies.stop())) {
-                goTo(bodies.stop());
-                return;
-            }
-            if (like == NONE) like = isKnown ? likeness.key(top) : top;
-            boolean isReady = bodies.known(like) != 0;
-            boolean doesGo = like != top && !isReady && isNew(like);
-            table.setNote(top, TypeTable.NORM, (isReady || doesGo ? like : top) + 1);
-            if (doesGo) {
-                goTo(like);
-            } else if (isReady && like != top) {
-                bodies.share(top);
-                hasProgress = true;
-                leaveTop();
+        /** Goes from an instance that was looked at to one that matters for it, or finds what else is to be done. */
+        private void goFrom() {
+            int next = nextToAsk();
+            if (next != NONE) {
+                top = next;
+                table.setNote(top, TypeTable.LINK, 1);
+                phase = DERIVE;
+            } else if (phase == JUDGE && hasProgress) {
+                startRound();
+            } else if (phase == JUDGE) {
+                goDeeper();
             }
         }
 
-        private int tried() {
-            return Bodies.TRIED | round & Bodies.TRIED - 1;
+        private void goDeeper() {
+            int manner = bodies.manner();
+            boolean isLast = manner == Bodies.DEEP || manner == Bodies.PLAIN && bodies.looks() >= deepLimit;
+            if (mode != SURE || isLast) phase = CHECK;
+            else lookSo(manner == Bodies.PLAIN ? Bodies.DEEP : Bodies.PLAIN);
         }
 
         /**
@@ -2332,95 +2445,110 @@ public final class Overloadery {
             return next;
         }
 
-        /** Whether an instance was not come to in this round. */
-        private boolean isNew(int type) {
-            int link = table.note(type, TypeTable.LINK);
-            return link == 0 || link >= Bodies.TRIED && link != tried();
+        /** Finds one of several bases of an instance that would tell more. */
+        private void tell() {
+            table.makeRoom();
+            if (!bodies.tell(one)) deepLimit = 0;
+            phase = top == NONE ? JUDGE : DERIVE;
         }
 
-        /** Looks at the last guess that was not seen to go with what follows from it, or else at the goal. */
-        private void judge() {
-            int at = lastUnseen();
-            int type = at == NONE ? nextGoal() : (int) row(at, GUESSED);
+        /** Goes from an instance to those that matter for it, and finds the bodies of these first. */
+        private void derive() {
             bodies.putMark(tried());
-            top = NONE;
-            one = type;
-            if (type == NONE || isOut()) {
-                phase = type == NONE ? WAY : isDeep ? CHECK : OUT;
+            boolean isCrowded = likeness.isOfUse() && table.count() > MANY;
+            boolean doesLiken = bodies.manner() == Bodies.BY_LIKENESS && isCrowded;
+            for (int i = 0; i < MOST && top != NONE && phase == DERIVE; i++) {
+                boolean isOut = isOut();
+                if (doesLiken && !isOut && table.note(top, TypeTable.NORM) != top + 1) {
+                    phase = LIKEN;
+                    return;
+                }
+                int set = isOut ? 0 : narrowed(top, bodies.look(top));
+                int next = Integer.bitCount(set) > 1 ? nextToAsk() : NONE;
+                int type = top;
+                if (phase == DERIVE && next != NONE) {
+                    goTo(next);
+                } else if (phase == DERIVE) {
+                    leaveTop();
+                    if (Integer.bitCount(set) == 1) willKnow(type, set, bodies.reasons());
+                }
+            }
+            if (phase == DERIVE) phase = JUDGE;
+        }
+
+        private void goTo(int next) {
+            table.setNote(next, TypeTable.LINK, top + 2);
+            top = next;
+        }
+
+        private void leaveTop() {
+            int below = table.note(top, TypeTable.LINK) - 2;
+            table.setNote(top, TypeTable.LINK, tried());
+            top = below;
+        }
+
+        /**
+         * Where there are many types, goes from an instance to what stands for all that are like it, and gives it the body
+         * of this. If that can't be told, or its body can't be found so, the instance stands for itself.
+         */
+        private void liken() {
+            phase = DERIVE;
+            table.makeRoom();
+            int like = table.note(top, TypeTable.NORM) - 1;
+            int parts = like == NONE ? likeness.parts(top) : 0;
+            boolean isLedKnown = true;
+            for (int i = 0; i < parts && isLedKnown; i++) {
+                isLedKnown = bodies.isLedKnown(likeness.part(i));
+            }
+            if (!isLedKnown && isNew(bodies.stop())) {
+                goTo(bodies.stop());
                 return;
             }
-            int seen = bodies.look(type);
-            int set = at == NONE ? narrowed(type, seen) : seen & bodies.known(type);
-            if (set == 0) {
-                clash(at);
-            } else if (Integer.bitCount(at == NONE ? set : seen) == 1) {
-                if (at == NONE) willKnow(type, set, bodies.reasons());
-                else setRow(at, SEEN, guesses);
-            } else {
-                goFrom();
+            if (like == NONE) like = isLedKnown ? likeness.key(top, true) : top;
+            boolean isKnown = like != top && bodies.known(like) != 0;
+            boolean doesGo = like != top && !isKnown && isNew(like);
+            table.setNote(top, TypeTable.NORM, (isKnown || doesGo ? like : top) + 1);
+            if (doesGo) {
+                goTo(like);
+            } else if (isKnown) {
+                bodies.share(top);
+                hasProgress = true;
+                leaveTop();
             }
         }
 
-        /** Goes from an instance that was looked at to one that matters for it, or finds what else is to be done. */
-        private void goFrom() {
-            int next = nextToAsk();
-            if (phase == TELL) return;
-            if (next != NONE) {
-                top = next;
-                table.setNote(top, TypeTable.LINK, 1);
-                phase = DERIVE;
-            } else if (hasProgress) {
-                startRound();
-            } else if (!isTrying && !isDeep && bodies.looks() < deepLimit) {
-                goDeep(true);
-            } else {
-                phase = CHECK;
-            }
+        /** Lets an instance have a body next, which depends on some guesses, given as bits. */
+        private void willKnow(int type, int body, long reasons) {
+            one = type;
+            newBody = body;
+            newReasons = reasons;
+            phase = KNOW;
         }
 
-        private int lastUnseen() {
-            for (int i = guesses - 1; i >= 0; i--) {
-                if (row(i, SEEN) == 0) return i;
-            }
-            return NONE;
-        }
-
-        private int nextGoal() {
-            for (int i = 0; i < table.numbered() && isWide; i++) {
-                int type = table.place(i);
-                boolean isClosed = TypeTable.isInstance(table.head(type)) && !table.isOpen(type);
-                if (isClosed && bodies.known(type) == 0) return type;
-            }
-            return bodies.known(goal) == 0 ? goal : NONE;
-        }
-
-        private void clash(int at) {
-            conflict = bodies.reasons() | bit(at);
-            phase = CLASH;
-        }
-
-        private static long bit(int guess) {
-            return 1L << Math.min(guess, LAST_BIT);
-        }
-
-        private long row(int guess, int at) {
-            return rows[guess * ROW + at];
-        }
-
-        private void setRow(int guess, int at, long value) {
-            rows[guess * ROW + at] = value;
+        private void know() {
+            int before = bodies.set(one);
+            table.makeRoom();
+            bodies.know(one, newBody);
+            hasProgress = true;
+            phase = top == NONE ? JUDGE : DERIVE;
+            if (newReasons != 0) guesses.putOnTrail(one, before, newReasons);
         }
 
         /** Looks whether all guesses go with what is known by now. */
         private void check() {
-            goDeep(false);
+            lookSo(Bodies.PLAIN);
             bodies.putMark(0);
             phase = CIRCLE;
-            for (int i = 0; i < guesses && phase == CIRCLE; i++) {
-                int type = (int) row(i, GUESSED);
-                boolean doesGo = row(i, SEEN) > 0 || (bodies.look(type) & bodies.known(type)) != 0;
+            for (int i = 0; i < guesses.count() && phase == CIRCLE; i++) {
+                int type = guesses.type(i);
+                boolean doesGo = guesses.isSeen(i) || (bodies.look(type) & bodies.known(type)) != 0;
                 if (!doesGo) clash(i);
             }
+        }
+
+        private void clash(int at) {
+            guesses.clash(bodies.reasons() | Guesses.bit(at));
+            phase = CLASH;
         }
 
         /** Goes from one instance to one of some that ask for one another, and for no others that have no body. */
@@ -2428,18 +2556,19 @@ public final class Overloadery {
             int at = 0;
             int height = 0;
             bodies.look(one);
-            int next = bodies.known(one) == 0 ? one : bodies.openStop(0);
+            int next = bodies.known(one) == 0 ? one : nextNotLinked(0);
+            if (next == NONE) next = one;
             one = NONE;
             for (int i = 0; i < MOST && one == NONE; i++) {
                 if (next != NONE) {
                     table.setNote(next, TypeTable.ORIGIN, at);
-                    putOnTrail(trailed + height, next);
+                    putOnPath(gathered + height, next);
                     at = height++;
                     table.setNote(next, TypeTable.LINK, height);
                 }
-                int type = trail[trailed + at];
+                int type = path[gathered + at];
                 bodies.look(type);
-                next = trailed + height < MOST_ON_TRAIL ? nextNotLinked(height) : NONE;
+                next = gathered + height < MOST_ON_PATH ? nextNotLinked(height) : NONE;
                 int least = leastLink(height, table.note(type, TypeTable.LINK));
                 if (next == NONE && least < at + 1) {
                     table.setNote(type, TypeTable.LINK, least);
@@ -2449,16 +2578,22 @@ public final class Overloadery {
                 }
             }
             for (int i = 0; i < height; i++) {
-                table.setNote(trail[trailed + i], TypeTable.LINK, 0);
+                table.setNote(path[gathered + i], TypeTable.LINK, 0);
             }
-            if (isTrying) phase = guesses < MOST_GUESSES ? GUESS : OUT;
-            else beginWith(one, true);
+            phase = GUESS;
+            if (mode == SURE) beginWith(one, TRIAL);
+        }
+
+        private void putOnPath(int at, int type) {
+            if (at >= path.length) path = Arrays.copyOf(path, Math.max(FEW_ON_PATH, path.length << MORE));
+            path[at] = type;
         }
 
         private int nextNotLinked(int height) {
             for (int i = 0; i < bodies.open(); i++) {
-                int link = table.note(bodies.openStop(i), TypeTable.LINK);
-                if (link == 0 || link > height) return bodies.openStop(i);
+                int stop = bodies.openStop(i);
+                int link = table.note(stop, TypeTable.LINK);
+                if (stop != NONE && (link == 0 || link > height)) return stop;
             }
             return NONE;
         }
@@ -2473,143 +2608,120 @@ public final class Overloadery {
         }
 
         private void guess() {
-            if ((guesses + 1) * ROW > rows.length) {
-                rows = Arrays.copyOf(rows, Math.max(FEW_ON_TRAIL, rows.length << MORE));
-            }
-            setRow(guesses, GUESSED, one);
-            int set = bodies.look(one);
-            int before = bodies.set(one);
-            setRow(guesses, UNTRIED, (before & set) == 0 ? set : before & set);
-            setRow(guesses, TRAIL, trailed);
-            setRow(guesses, CONFLICT, 0);
-            guesses++;
+            guesses.put(one, narrowed(one, bodies.look(one)));
             phase = TRY;
         }
 
-        /** Guesses the next body for the last guess, that of the template itself first, no sure body last. */
         private void tryNext() {
-            int at = guesses - 1;
-            int type = (int) row(at, GUESSED);
-            int left = (int) row(at, UNTRIED);
-            int body = (left & Bodies.ITSELF_BIT) != 0 ? Bodies.ITSELF_BIT : left & -left;
-            setRow(at, UNTRIED, left & ~body);
-            setRow(at, SEEN, bodies.isFree(type) ? 1 : 0);
+            int at = guesses.count() - 1;
             top = NONE;
-            willKnow(type, body, bit(at));
+            willKnow(guesses.type(at), guesses.next(), Guesses.bit(at));
         }
 
-        /** Takes back the last guess on which the clash depends, and those behind it. */
         private void goBack() {
-            boolean isHigh = guesses > LAST_BIT && conflict >> LAST_BIT != 0;
-            int at = isHigh ? guesses - 1 : LAST_BIT + 1 - Long.numberOfLeadingZeros(conflict);
-            if (conflict == 0) {
-                phase = NO_OTHER;
-                return;
-            }
-            undo((int) row(at, TRAIL));
-            guesses = at + 1;
-            for (int i = 0; i < at; i++) {
-                if (row(i, SEEN) > at) setRow(i, SEEN, 0);
-            }
-            if (at <= LAST_BIT) conflict &= ~bit(at);
-            conflict |= row(at, CONFLICT);
-            setRow(at, CONFLICT, conflict);
-            if (row(at, UNTRIED) != 0) phase = TRY;
-            else guesses = at;
+            if (!guesses.doClash()) phase = NO_OTHER;
+            else if (guesses.goBack()) phase = TRY;
         }
 
         /** There is a way to choose the bodies. The goal has its body for sure if it has it in all others as well. */
         private void takeWay() {
             int body = bodies.known(goal);
-            if (!isTrying) {
+            if (mode == SURE) {
                 phase = DONE;
-            } else if (isWide) {
-                finish(body);
-            } else if (isAgain || found == 0 && !hasUntried()) {
-                keepWay();
+            } else if (mode == AGAIN || mode == TRIAL && found == 0 && !guesses.hasUntried()) {
+                guesses.keep();
+                beginWith(asked, SURE);
             } else if (table.reasons(goal) == 0) {
-                beginWith(asked, false);
+                beginWith(asked, SURE);
             } else if (found != 0 && body != found) {
                 goFurther();
+            } else if (mode == WIDEST) {
+                finish(body);
             } else {
                 isSole = found == 0;
-                conflict = isSole ? allGuesses() : table.reasons(goal);
                 found = body;
+                guesses.clash(isSole ? guesses.all() : table.reasons(goal));
                 phase = CLASH;
             }
         }
 
-        private boolean hasUntried() {
-            for (int i = 0; i < guesses; i++) {
-                if (row(i, UNTRIED) != 0) return true;
-            }
-            return false;
-        }
-
-        private long allGuesses() {
-            return guesses > LAST_BIT ? Long.MAX_VALUE : (1L << guesses) - 1;
-        }
-
-        /** Goes on with what follows from the only way. */
-        private void keepWay() {
-            for (int i = 0; i < trailed; i++) {
-                table.setReasons(trail[i] & PLACES, 0);
-            }
-            trailed = 0;
-            beginWith(asked, false);
-        }
-
         /** There is no other way, or no way at all, or none in which the goal has another body. */
         private void end() {
-            int body = found;
-            if (isWide || isAgain) {
-                isWideInVain = true;
-                finish(body);
-            } else if (body != 0 && isSole) {
-                beginWith(goal, true);
-                found = body;
-                isAgain = true;
+            if (mode == TRIAL && found != 0 && isSole) {
+                beginWith(goal, AGAIN);
             } else if (goal != asked) {
-                beginWith(asked, true);
-            } else if (body == 0) {
-                goWithoutWay((int) row(0, GUESSED));
-            } else {
-                finish(body);
-            }
-        }
-
-        /** Where there is no way, what does not depend on it goes on, whatever body the first one has for which was guessed. */
-        private void goWithoutWay(int type) {
-            if (type == asked) {
+                beginWith(asked, TRIAL);
+            } else if (found != 0) {
+                finish(found);
+            } else if (mode == WIDE) {
+                beginWith(asked, WIDEST);
+            } else if (mode == WIDEST) {
+                finish(firstFound);
+            } else if (guesses.first() == asked) {
                 finish(Bodies.UNSURE_BIT);
-                return;
+            } else {
+                // What does not depend on the body for which there is no way goes on.
+                bodies.free(guesses.first());
+                beginWith(asked, SURE);
             }
-            bodies.free(type);
-            beginWith(asked, false);
         }
 
-        /** Where the goal has several bodies, that is looked for with which all types with a number have a way. */
+        /** Where the goal has several bodies, a way is looked for with which more goes. */
         private void goFurther() {
-            int body = found;
-            if (goal == asked && isWideInVain) {
-                finish(body);
-                return;
+            if (goal != asked) {
+                beginWith(asked, TRIAL);
+            } else if (mode == WIDE) {
+                beginWith(asked, WIDEST);
+            } else {
+                firstFound = found;
+                phase = GATHER;
             }
-            boolean wasAsked = goal == asked;
-            beginWith(asked, true);
-            isWide = wasAsked;
-            if (wasAsked) found = body;
+        }
+
+        /** Gathers all instances on which the goal may depend, unless they are too many. */
+        private void gather() {
+            guesses.clear();
+            lookSo(Bodies.DEEP);
+            gathered = 0;
+            addGathered(goal);
+            for (int i = 0; i < gathered && gathered < MOST_GATHERED; i++) {
+                int before = 0;
+                while (before < gathered && gathered < MOST_GATHERED) {
+                    before = gathered;
+                    bodies.putMark(tried());
+                    bodies.look(path[i]);
+                    for (int j = 0; j < bodies.open(); j++) {
+                        int stop = bodies.openStop(j);
+                        if (stop != NONE && isNew(stop)) addGathered(stop);
+                    }
+                }
+            }
+            beginWith(asked, gathered < MOST_GATHERED ? WIDE : WIDEST);
+        }
+
+        private void addGathered(int type) {
+            putOnPath(gathered, type);
+            gathered++;
+            table.setNote(type, TypeTable.LINK, tried());
         }
 
         private void giveUp() {
-            undo(0);
-            if (goal == asked && found != 0) finish(found);
+            boolean isWide = mode == WIDE || mode == WIDEST;
+            if (isWide || goal == asked && found != 0) finish(isWide ? firstFound : found);
             else phase = DONE;
+            guesses.clear();
         }
 
         private void finish(int body) {
             newBody = body;
             phase = ANSWER;
+        }
+
+        private void answer() {
+            guesses.clear();
+            table.makeRoom();
+            bodies.answer(asked, newBody);
+            phase = DONE;
         }
     }
 
@@ -2796,14 +2908,14 @@ public final class Overloadery {
         }
 
         /** What stands for all types that are like one, the type itself if there are none. */
-        int key(int type) {
+        int key(int type, boolean isByLikeness) {
             cut(type);
             int left = 0;
             for (int i = length - 1; i >= 0; i--) {
                 int head = table.head(row[i]);
                 int first = areOpened[i] && head >= TypeTable.POINTER && left > 0 ? stack[--left] : NONE;
                 int second = areOpened[i] && head >= TypeTable.TWOFOLD && left > 0 ? stack[--left] : NONE;
-                int led = areOpened[i] || !doLead ? 0 : bodies.led(row[i]);
+                int led = areOpened[i] || !doLead ? 0 : bodies.led(row[i], isByLikeness);
                 int size = table.size(row[i]);
                 long shape = areOpened[i] ? TypeTable.shape(head, first, second, size, false)
                         : TypeTable.shape(TypeTable.likeHead(head), led, NONE, size, false);
@@ -3251,9 +3363,9 @@ public final class Overloadery {
             table.makeRoom();
             int parts = doesLiken ? likeness.parts(current) : 0;
             for (int i = 0; i < parts && !bodies.needsOne(); i++) {
-                bodies.led(likeness.part(i));
+                bodies.led(likeness.part(i), false);
             }
-            int key = bodies.needsOne() || !doesLiken ? current : likeness.key(current);
+            int key = bodies.needsOne() || !doesLiken ? current : likeness.key(current, false);
             boolean isLikeOther = key != current && table.note(key, TypeTable.QUEUE) != 0;
             int base = bodies.needsOne() || isLikeOther ? NONE : bodies.base(current);
             if (key != current && !bodies.needsOne()) table.setNote(key, TypeTable.QUEUE, 1);
