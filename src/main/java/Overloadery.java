@@ -431,7 +431,7 @@ public final class Overloadery {
     /** Finds the candidates of the call of a name. */
     private void gather(int namespace, int name) {
         choice.begin(namespace, name);
-        for (int i = 0; i < call.count(); i++) {
+        for (int i = 0; i < call.count() && choice.lacksSome(); i++) {
             templates.findEnds();
             templates.lookBehind(call.argument(i));
             boolean isDone = false;
@@ -559,7 +559,7 @@ public final class Overloadery {
         static final int NUMBERED = 150;
         static final int LARGEST = 30;
         /** No bound of the document: that of the room in which the program lives. */
-        static final int ROOM = 1_000_000;
+        static final int ROOM = 900_000;
 
         /** What others note of a type during a search, 0 at first: the place of the bits in a row of longs. */
         static final int BODY = 0;
@@ -582,7 +582,8 @@ public final class Overloadery {
 
         /** The rows become more three times, when there may be no more room for a base. */
         private static final int FEW = 1 << 10;
-        private static final int MORE = 5;
+        private static final int SOME = 1 << 16;
+        private static final int MORE = 3;
         private static final int SPARE = 100;
         private static final int FEW_CHAINS = 1 << 11;
         private static final int MANY_CHAINS = 1 << 17;
@@ -606,6 +607,7 @@ public final class Overloadery {
         /** Of each chain of types the last one and 1; the one ahead of it is noted. */
         private int[] chains = new int[FEW_CHAINS];
         private int count;
+        private boolean hasNotes;
         private int lasting;
         private int numbered;
         private final int[] places = new int[NUMBERED];
@@ -718,6 +720,7 @@ public final class Overloadery {
             if (place < 0 || place >= count) return;
             int at = place * ROW + NOTES + (kind >> WORD_AT);
             rows[at] = rows[at] & ~((long) NOTE << kind) | (long) value << kind;
+            hasNotes = true;
         }
 
         /** The guesses on which the body of a type depends, as bits. */
@@ -755,42 +758,38 @@ public final class Overloadery {
             return count - 1;
         }
 
-        private void clear(int place) {
-            for (int i = 0; i < ROW; i++) {
-                rows[place * ROW + i] = 0;
-            }
-        }
-
         /** Makes the rows more if a base could be too much, and makes more chains if they have become long. */
         void makeRoom() {
             if ((count + SPARE) * ROW > rows.length && rows.length < ROOM * ROW) {
-                rows = Arrays.copyOf(rows, Math.min(rows.length << MORE, ROOM * ROW));
+                rows = Arrays.copyOf(rows, rows.length < SOME * ROW ? rows.length << MORE : ROOM * ROW);
             }
             if (count <= chains.length * CROWD || chains.length >= MANY_CHAINS) return;
             chains = new int[chains.length * CROWD];
             for (int place = 0; place < count; place++) {
-                putInChain(place);
+                int chain = (int) (rows[place * ROW] * SPREAD >>> SPREAD_AT) & chains.length - 1;
+                int at = place * ROW + CHAINED;
+                rows[at] = rows[at] & (1L << CHAINED_AT) - 1 | (long) chains[chain] << CHAINED_AT;
+                chains[chain] = place + 1;
             }
-        }
-
-        private void putInChain(int place) {
-            int chain = (int) (rows[place * ROW] * SPREAD >>> SPREAD_AT) & chains.length - 1;
-            int at = place * ROW + CHAINED;
-            rows[at] = rows[at] & (1L << CHAINED_AT) - 1 | (long) chains[chain] << CHAINED_AT;
-            chains[chain] = place + 1;
         }
 
         /** Forgets the passing types and all notes. */
         void forgetPassing() {
-            Arrays.fill(chains, 0);
+            makeRoom();
+            if (!hasNotes && count <= lasting) return;
+            for (int place = count - 1; place >= lasting; place--) {
+                // The last type is the last one of its chain.
+                int chain = (int) (rows[place * ROW] * SPREAD >>> SPREAD_AT) & chains.length - 1;
+                chains[chain] = (int) (rows[place * ROW + CHAINED] >>> CHAINED_AT);
+            }
             count = Math.min(count, lasting);
             for (int place = 0; place < count; place++) {
-                long shape = rows[place * ROW];
-                clear(place);
-                rows[place * ROW] = shape;
-                putInChain(place);
+                long chained = rows[place * ROW + CHAINED] >>> CHAINED_AT << CHAINED_AT;
+                for (int i = NOTES; i < ROW; i++) {
+                    rows[place * ROW + i] = i == CHAINED ? chained : 0;
+                }
             }
-            makeRoom();
+            hasNotes = false;
         }
 
         /** The number of a type, a new one if need be, which forgets the passing types; NONE if it can't have one. */
@@ -970,6 +969,7 @@ public final class Overloadery {
         /** The classes and templates that can be met by way of an instance, as bits. */
         private final int[] behind = new int[TEMPLATES];
         private int changes;
+        private int changesSeen = NONE;
 
         Templates(TypeTable table, Hierarchy hierarchy) {
             this.table = table;
@@ -1149,6 +1149,9 @@ public final class Overloadery {
 
         /** To be called ahead of a search, as templates or classes may have changed. */
         void findEnds() {
+            int now = changes + hierarchy.changes();
+            if (now == changesSeen) return;
+            changesSeen = now;
             for (int steps = 1; steps <= Bodies.STEPS; steps++) {
                 for (int i = 0; i < count; i++) {
                     int all = 0;
@@ -1318,6 +1321,7 @@ public final class Overloadery {
         /** How many numbers of objects the making of a class takes: as a part, and as a whole. */
         private final long[] partObjects = new long[CLASSES];
         private final long[] wholeObjects = new long[CLASSES];
+        private int changes;
 
         int count() {
             return count;
@@ -1486,8 +1490,14 @@ public final class Overloadery {
             return sum;
         }
 
+        /** How often something of the classes was changed. */
+        int changes() {
+            return changes;
+        }
+
         /** Bases and members have lower numbers, so that what they need is worked out ahead of what needs them. */
         private void workOut() {
+            changes++;
             for (int cls = 0; cls < count; cls++) {
                 begin(cls);
                 for (int i = 0; i < baseCounts[cls]; i++) {
@@ -3339,6 +3349,11 @@ public final class Overloadery {
                 current = next();
             }
             return false;
+        }
+
+        /** Whether there is something to find yet. */
+        boolean lacksSome() {
+            return wanted != 0;
         }
 
         /** Whether there is nothing to find, or nothing that was not looked at. */
