@@ -2061,8 +2061,9 @@ public final class Overloadery {
         private long[] rows = new long[0];
         private int trailed;
         private int[] trail = new int[0];
-        /** The guesses that do not go with one another. */
+        /** The guesses that do not go with one another; and the first one for whom no body goes with the others then. */
         private long conflict;
+        private int without = NONE;
 
         Guesses(TypeTable table, Bodies bodies) {
             this.table = table;
@@ -2082,9 +2083,9 @@ public final class Overloadery {
             return (int) rows[guess * ROW + GUESSED];
         }
 
-        /** The one for which was guessed first, also if that was taken back. */
-        int first() {
-            return rows.length > 0 ? (int) rows[GUESSED] : NONE;
+        /** The first instance for which there was no other body since the last clash, but for those with whatever body. */
+        int without() {
+            return without;
         }
 
         boolean isSeen(int guess) {
@@ -2119,12 +2120,13 @@ public final class Overloadery {
             return count > LAST_BIT ? Long.MAX_VALUE : (1L << count) - 1;
         }
 
-        void put(int type, int set) {
+        /** Puts a guess for an instance, to try some bodies; all others don't go with some earlier guesses. */
+        void put(int type, int set, long reasons) {
             if ((count + 1) * ROW > rows.length) rows = Arrays.copyOf(rows, Math.max(FEW * ROW, rows.length << MORE));
             rows[count * ROW + GUESSED] = type;
             rows[count * ROW + UNTRIED] = set;
             rows[count * ROW + AHEAD] = trailed;
-            rows[count * ROW + CONFLICT] = 0;
+            rows[count * ROW + CONFLICT] = reasons;
             count++;
         }
 
@@ -2149,6 +2151,7 @@ public final class Overloadery {
 
         void clash(long reasons) {
             conflict = reasons;
+            without = NONE;
         }
 
         boolean doClash() {
@@ -2168,6 +2171,7 @@ public final class Overloadery {
             conflict |= rows[row + CONFLICT];
             rows[row + CONFLICT] = conflict;
             boolean hasMore = rows[row + UNTRIED] != 0;
+            if (!hasMore && without == NONE && !bodies.isFree(type(at))) without = type(at);
             count = hasMore ? at + 1 : at;
             return hasMore;
         }
@@ -2408,7 +2412,8 @@ public final class Overloadery {
         private int narrowed(int type, int set) {
             int before = bodies.set(type);
             int after = before == 0 || (before & set) == 0 ? set : before & set;
-            if (bodies.manner() == Bodies.DEEP && after != before && Integer.bitCount(after) > 1) {
+            boolean isKept = mode == SURE && bodies.manner() == Bodies.DEEP;
+            if (isKept && after != before && Integer.bitCount(after) > 1) {
                 bodies.putSet(type, after);
                 hasProgress = true;
             }
@@ -2432,7 +2437,7 @@ public final class Overloadery {
         private void goDeeper() {
             int manner = bodies.manner();
             boolean isLast = manner == Bodies.DEEP || manner == Bodies.PLAIN && bodies.looks() >= deepLimit;
-            if (mode != SURE || isLast) phase = CHECK;
+            if (isLast) phase = CHECK;
             else lookSo(manner == Bodies.PLAIN ? Bodies.DEEP : Bodies.PLAIN);
         }
 
@@ -2618,7 +2623,8 @@ public final class Overloadery {
         }
 
         private void guess() {
-            guesses.put(one, narrowed(one, bodies.look(one)));
+            int set = narrowed(one, bodies.look(one));
+            guesses.put(one, set, bodies.reasons());
             phase = TRY;
         }
 
@@ -2667,11 +2673,11 @@ public final class Overloadery {
                 beginWith(asked, WIDEST);
             } else if (mode == WIDEST) {
                 finish(firstFound);
-            } else if (guesses.first() == asked) {
+            } else if (guesses.without() == asked || guesses.without() == NONE) {
                 finish(Bodies.UNSURE_BIT);
             } else {
                 // What does not depend on the body for which there is no way goes on.
-                bodies.free(guesses.first());
+                bodies.free(guesses.without());
                 beginWith(asked, SURE);
             }
         }
