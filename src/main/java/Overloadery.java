@@ -245,12 +245,14 @@ public final class Overloadery {
 
     public boolean isViable(int function) throws IndexOutOfBoundsException {
         needFunction(function);
+        startSearch(Search.LOOKS);
         return settles(function);
     }
 
     public int coming(int function, int argument) throws IndexOutOfBoundsException, IllegalStateException {
         needFunction(function);
         if (argument < 0 || argument >= call.count()) throw new IndexOutOfBoundsException();
+        startSearch(Search.LOOKS);
         if (!settles(function)) throw new IllegalStateException();
         int way = call.wayOf(function, argument);
         return call.isSure(function, argument) ? way : -1 - way;
@@ -261,6 +263,7 @@ public final class Overloadery {
             UnsupportedOperationException {
         needFunction(function);
         if (!isParameter(parameter)) throw new IndexOutOfBoundsException();
+        startSearch(Search.LOOKS);
         if (!settles(function)) throw new IllegalStateException();
         int type = call.bound(parameter);
         if (type == NONE) throw new NoSuchElementException();
@@ -273,6 +276,7 @@ public final class Overloadery {
         needNamespace(namespace);
         needName(name);
         gather(namespace, name);
+        startSearch(Search.LOOKS);
         for (int i = 0; i < functions.count(); i++) {
             if (choice.has(i) && !settles(i)) choice.drop(i);
         }
@@ -283,6 +287,7 @@ public final class Overloadery {
         needNamespace(namespace);
         needName(name);
         gather(namespace, name);
+        startSearch(Search.LOOKS);
         for (int i = 0; i < functions.count(); i++) {
             if (choice.has(i) && !settles(i)) choice.drop(i);
         }
@@ -383,6 +388,7 @@ public final class Overloadery {
         int all = functions.count();
         if (all == 0) throw new ArithmeticException();
         int viable = 0;
+        startSearch(Search.LOOKS);
         for (int i = 0; i < all; i++) {
             if (settles(i)) viable++;
         }
@@ -416,9 +422,9 @@ public final class Overloadery {
         if (!search.finds(place, Search.LOOKS)) search.answerAtLeast(place);
     }
 
-    /** Whether a function is viable; how the arguments come to its parameters is known then. */
+    /** Whether a function is viable; how the arguments come to its parameters is known then. A search must have begun. */
     private boolean settles(int function) {
-        startSearch(Search.LOOKS);
+        if (table.isFull() || search.isSpent()) startSearch(Search.FEW_LOOKS);
         boolean isViable = call.settles(function);
         for (int i = 0; i < Call.MOST_NEEDED && bodies.needsOne(); i++) {
             int type = bodies.takeNeeded();
@@ -2269,9 +2275,10 @@ public final class Overloadery {
         private int one;
         private int newBody;
         private long newReasons;
-        /** The body of the goal in the first way, 0 if there is none; whether there is no other way; and when it was TRIAL. */
+        /** The body of the goal in the first way, 0 if there is none; whether there is no other way. */
         private int found;
         private boolean isSole;
+        /** The body of the one that was asked for, if there are several ways, or if a circle has none; 0 until then. */
         private int firstFound;
         /** The instances that were gathered; behind them the way to a circle. */
         private int gathered;
@@ -2300,6 +2307,7 @@ public final class Overloadery {
             limit = bodies.looks() + Math.max(LEAST_LOOKS, Math.min(looks, lastLimit - bodies.looks()));
             deepLimit = bodies.looks() + (limit - bodies.looks()) / 2;
             asked = type;
+            firstFound = 0;
             beginWith(type, SURE);
             if (bodies.isFree(type)) finish(Bodies.UNSURE_BIT);
             if (bodies.found(type) != 0) finish(bodies.found(type));
@@ -2566,15 +2574,18 @@ public final class Overloadery {
             phase = CLASH;
         }
 
-        /** Goes from one instance to one of some that ask for one another, and for no others that have no body. */
+        /**
+         * Goes from one instance to one of some that ask for one another, and for no others that have no body. Of these it
+         * is the largest one: as no type is too large, more can follow from that.
+         */
         private void goRound() {
             int at = 0;
             int height = 0;
             bodies.look(one);
             int next = bodies.known(one) == 0 ? one : nextNotLinked(0);
             if (next == NONE) next = one;
-            one = NONE;
-            for (int i = 0; i < MOST && one == NONE; i++) {
+            boolean isRound = false;
+            for (int i = 0; i < MOST && !isRound; i++) {
                 if (next != NONE) {
                     table.setNote(next, TypeTable.ORIGIN, at);
                     putOnPath(gathered + height, next);
@@ -2585,15 +2596,17 @@ public final class Overloadery {
                 bodies.look(type);
                 next = gathered + height < MOST_ON_PATH ? nextNotLinked(height) : NONE;
                 int least = leastLink(height, table.note(type, TypeTable.LINK));
-                if (next == NONE && least < at + 1) {
+                isRound = next == NONE && least > at;
+                if (next == NONE && !isRound) {
                     table.setNote(type, TypeTable.LINK, least);
                     at = table.note(type, TypeTable.ORIGIN);
-                } else if (next == NONE) {
-                    one = type;
                 }
             }
+            one = path[gathered + at];
             for (int i = 0; i < height; i++) {
-                table.setNote(path[gathered + i], TypeTable.LINK, 0);
+                int type = path[gathered + i];
+                table.setNote(type, TypeTable.LINK, 0);
+                if (i > at && table.size(type) > table.size(one)) one = type;
             }
             phase = GUESS;
             if (mode == SURE) beginWith(one, TRIAL);
@@ -2678,6 +2691,7 @@ public final class Overloadery {
             } else {
                 // What does not depend on the body for which there is no way goes on.
                 bodies.free(guesses.without());
+                firstFound = Bodies.UNSURE_BIT;
                 beginWith(asked, SURE);
             }
         }
@@ -2688,6 +2702,8 @@ public final class Overloadery {
                 beginWith(asked, TRIAL);
             } else if (mode == WIDE) {
                 beginWith(asked, WIDEST);
+            } else if (firstFound != 0) {
+                finish(firstFound);
             } else {
                 firstFound = found;
                 phase = GATHER;
