@@ -257,6 +257,7 @@ public final class ClassEdgesTest {
             c.due("the second again ahead of a third", () -> x.addConversion(1, instance, isFrom), Due.ARGUMENT);
             c.due("a third", () -> x.addConversion(1, other, isFrom), Due.STATE);
             c.due("for another class", () -> x.addConversion(2, own, isFrom), 1);
+            c.due("no class ahead of an open type", () -> x.addConversion(3, t0, isFrom), Due.INDEX);
         }
     }
 

@@ -49,6 +49,31 @@ final class Lives {
         x.addArgument(type, category);
     }
 
+    /** Class 7 has several bases, virtual ones and others, with members, which have virtual bases. */
+    static Overloadery withAllSorts() {
+        Overloadery x = withClasses(9);
+        x.addMember(1, 0);
+        x.addBase(2, 1, true);
+        x.addMember(2, 0);
+        x.addMember(2, 1);
+        x.addBase(3, 2, true);
+        x.addBase(3, 0, false);
+        x.addMember(3, 1);
+        x.addBase(4, 0, true);
+        x.addMember(4, 2);
+        x.addBase(5, 3, false);
+        x.addBase(5, 4, true);
+        x.addMember(5, 4);
+        x.addBase(6, 5, false);
+        x.addBase(6, 1, true);
+        x.addMember(6, 3);
+        x.addBase(7, 3, false);
+        x.addBase(7, 6, false);
+        x.addBase(7, 4, false);
+        x.addMember(7, 4);
+        return x;
+    }
+
     /** Some of everything, nothing full, and no object: class 4 has two parts of 0, type 5 is its type. */
     static Overloadery some() {
         Overloadery x = new Overloadery();

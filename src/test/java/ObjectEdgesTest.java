@@ -305,29 +305,10 @@ public final class ObjectEdgesTest {
         c.due("the second is 1", () -> x.traceObject(1), 1);
     }
 
-    /** Class 6 has virtual bases with members, which have virtual bases; all parts and members come in its making. */
-    private static Overloadery withAllSorts() {
-        Overloadery x = Lives.withClasses(7);
-        x.addMember(1, 0);
-        x.addBase(2, 1, true);
-        x.addMember(2, 0);
-        x.addMember(2, 1);
-        x.addBase(3, 2, true);
-        x.addBase(3, 0, false);
-        x.addBase(4, 0, true);
-        x.addMember(4, 2);
-        x.addBase(5, 3, false);
-        x.addBase(5, 4, true);
-        x.addMember(5, 4);
-        x.addBase(6, 5, false);
-        x.addBase(6, 1, true);
-        x.addMember(6, 3);
-        return x;
-    }
-
     private static String trace(Overloadery x) {
         StringBuilder text = new StringBuilder();
-        for (int i = 0; i < x.trace(); i++) {
+        int length = x.trace();
+        for (int i = 0; i < length; i++) {
             text.append(x.traceKind(i)).append(x.traceClass(i)).append('.').append(x.traceObject(i)).append(' ');
         }
         return text.toString();
@@ -335,30 +316,32 @@ public final class ObjectEdgesTest {
 
     /** "what was made of this object is taken down in reverse, and it is thrown on" */
     private void everyBodyThrows() {
-        Overloadery all = withAllSorts();
-        all.make(6, 'o', 0);
+        Overloadery all = Lives.withAllSorts();
+        all.make(7, 'o', 0);
         String[] bodies = trace(all).split("C");
         int count = bodies.length - 1;
         c.due("all bodies", all::made, (long) count);
         StringBuilder made = new StringBuilder();
         StringBuilder back = new StringBuilder();
-        int[] times = new int[7];
+        int[] times = new int[8];
         for (int i = 1; i <= count; i++) {
             String body = bodies[i];
             int before = i - 1;
             int cls = body.charAt(0) - '0';
             times[cls]++;
-            Overloadery x = withAllSorts();
+            Overloadery x = Lives.withAllSorts();
             x.setThrow(cls, times[cls]);
             String want = made + "X" + body + back;
-            c.due("body " + i + " throws", () -> x.make(6, 'o', 0), 'u');
+            c.due("body " + i + " throws", () -> x.make(7, 'o', 0), 'u');
             c.due("body " + i + " in the trace", () -> trace(x), want);
             totals("body " + i, x, 0, before, before);
             made.append('C').append(body);
             back.insert(0, "D" + body);
         }
-        all.raise();
-        c.due("in exact reverse", () -> trace(all), "" + made + back);
+        Overloadery last = Lives.withAllSorts();
+        last.make(7, 'o', 0);
+        last.raise();
+        c.due("in exact reverse", () -> trace(last), "" + made + back);
     }
 
     /** "in the order in which they are met, .. walking through bases from the first one on" */

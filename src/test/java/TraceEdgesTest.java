@@ -16,6 +16,7 @@ public final class TraceEdgesTest {
         test.thrownBehindTheTrace();
         test.spokenBehindTheTrace();
         test.virtualBasesBehindTheTrace();
+        test.everyBodyThrowsBehindTheTrace();
         test.partsAreCounted();
         test.countedBeyondInts();
         test.lastOfAllCalls();
@@ -294,6 +295,29 @@ public final class TraceEdgesTest {
             c.due("the throw " + i, () -> x.make(4, 'o', 0), 'u');
             sum += i;
             totals("those ahead of the throw " + i, x, 0, sum, sum);
+        }
+    }
+
+    private void everyBodyThrowsBehindTheTrace() {
+        Overloadery all = Lives.withAllSorts();
+        all.make(7, 'o', 0);
+        int count = all.trace();
+        int[] times = new int[8];
+        for (int i = 0; i < count; i++) {
+            int cls = all.traceClass(i);
+            times[cls]++;
+            Overloadery x = Lives.withAllSorts();
+            for (int j = 0; j < 60; j++) {
+                x.make(8, 'a', 5);
+                x.raise();
+            }
+            x.setThrow(cls, times[cls]);
+            c.due("body " + i + " throws", () -> x.make(7, 't', 0), 'u');
+            totals("body " + i, x, 0, 300 + i, 300 + i);
+            c.due("told no more", () -> x.setThrow(cls, 0), 0);
+            c.due("all bodies", () -> x.make(7, 'o', 0), 'm');
+            totals("all bodies behind " + i, x, 1, 300 + i + count, 300 + i);
+            c.due("600 entries", x::trace, 600);
         }
     }
 
