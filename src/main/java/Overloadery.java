@@ -5,38 +5,56 @@ import java.util.NoSuchElementException;
 public final class Overloadery {
     private static final int NONE = -1;
     private static final int SEVERAL = -2;
+    private static final int NOT_SURE = -2;
     private static final int NAMES = 6;
     private static final int METHODS = 4;
     private static final int PARAMETERS = 3;
 
-    private final TypeTable table;
+    /** What is asked: of an instance its body, its base; of two types the steps; of functions all the others. */
+    private static final int BODY = 0;
+    private static final int BASE = 1;
+    private static final int DISTANCE = 2;
+    private static final int VIABLE = 3;
+    private static final int COMING = 4;
+    private static final int DEDUCED = 5;
+    private static final int SHARE = 6;
+    private static final int BEST = 7;
+    private static final int BEST_ANEW = 8;
+    /** Answers for a function that is not viable, and for a parameter that stands for nothing. */
+    private static final int NOT_VIABLE = -1_000_000;
+    private static final int NOTHING = -2_000_000;
+    /** How often bodies are supposed, and found, for a question; how often instances are looked at. */
+    private static final int RUNS = 1 << 12;
+    private static final int ROUNDS = 1 << 6;
+    private static final int LOOKS = 1 << 25;
+
+    private final Types table;
     private final Hierarchy hierarchy;
     private final Templates templates;
-    private final Bodies bodies;
-    private final Likeness likeness;
-    private final Search search;
+    private final Instances instances;
+    private final Look look;
+    private final Descent descent;
     private final Functions functions;
     private final Call call;
-    private final Choice choice;
+    private final Walk walk;
     private final Making making;
 
     public Overloadery() {
-        TypeTable newTable = new TypeTable();
+        Types newTypes = new Types();
         Hierarchy newHierarchy = new Hierarchy();
-        Templates newTemplates = new Templates(newTable, newHierarchy);
-        Bodies newBodies = new Bodies(newTable, newHierarchy, newTemplates);
-        Likeness newLikeness = new Likeness(newTable, newTemplates, newBodies);
-        Functions newFunctions = new Functions(newTable);
-        Call newCall = new Call(newTable, newHierarchy, newBodies, newFunctions);
-        table = newTable;
+        Templates newTemplates = new Templates(newTypes, newHierarchy);
+        Instances newInstances = new Instances();
+        Look newLook = new Look(newTypes, newHierarchy, newTemplates, newInstances);
+        Functions newFunctions = new Functions(newTypes);
+        table = newTypes;
         hierarchy = newHierarchy;
         templates = newTemplates;
-        bodies = newBodies;
-        search = new Search(newTable, newBodies, newLikeness);
+        instances = newInstances;
+        look = newLook;
+        descent = new Descent(newTypes, newInstances, new Look(newTypes, newHierarchy, newTemplates, newInstances));
         functions = newFunctions;
-        call = newCall;
-        likeness = newLikeness;
-        choice = new Choice(newTable, newHierarchy, newTemplates, newBodies, newLikeness, newFunctions, newCall);
+        call = new Call(newTypes, newHierarchy, newTemplates, newFunctions, newLook);
+        walk = new Walk(newTypes, newHierarchy, newTemplates, newLook);
         making = new Making(newHierarchy);
     }
 
@@ -44,34 +62,34 @@ public final class Overloadery {
 
     public int pointerTo(int type) throws IndexOutOfBoundsException, IllegalStateException {
         needType(type);
-        return numberFor(TypeTable.POINTER, table.place(type), NONE);
+        return needRoom(table.numberFor(Types.POINTER, type, NONE));
     }
 
     public int classType(int cls) throws IndexOutOfBoundsException, IllegalStateException {
         needClass(cls);
-        return numberFor(TypeTable.CLASS + cls, NONE, NONE);
+        return needRoom(table.numberFor(Types.CLASS + cls, NONE, NONE));
     }
 
     public int parameter(int parameter) throws IllegalArgumentException, IllegalStateException {
         if (!isParameter(parameter)) throw new IllegalArgumentException();
-        return numberFor(TypeTable.PARAMETER + parameter, NONE, NONE);
+        return needRoom(table.numberFor(Types.PARAMETER + parameter, NONE, NONE));
     }
 
     public int instance(int template, int first, int second)
             throws IndexOutOfBoundsException, IllegalArgumentException, IllegalStateException {
         needRow(template, first, second);
         boolean isSingle = templates.parameters(template) == 1;
-        int head = (isSingle ? TypeTable.SINGLE : TypeTable.TWOFOLD) + template;
-        return numberFor(head, table.place(first), table.place(second));
+        int head = (isSingle ? Types.SINGLE : Types.TWOFOLD) + template;
+        return needRoom(table.numberFor(head, first, second));
     }
 
     public char kindOf(int type) throws IndexOutOfBoundsException {
         needType(type);
-        int head = table.token(type, 0);
-        if (head == TypeTable.POINTER) return 'p';
-        if (TypeTable.isClass(head)) return 'c';
-        if (TypeTable.isParameter(head)) return 't';
-        return TypeTable.isInstance(head) ? 'i' : 'b';
+        int head = table.head(type);
+        if (head == Types.POINTER) return 'p';
+        if (Types.isClass(head)) return 'c';
+        if (Types.isParameter(head)) return 't';
+        return Types.isInstance(head) ? 'i' : 'b';
     }
 
     public int types() {
@@ -81,16 +99,15 @@ public final class Overloadery {
     public int baseOf(int type)
             throws IndexOutOfBoundsException, IllegalArgumentException, NoSuchElementException, IllegalStateException {
         needClosedInstance(type);
-        findBody(type);
-        int base = bodies.base(table.place(type));
-        if (base == NONE) throw new NoSuchElementException();
-        return needRoom(table.number(base));
+        if (answer(BASE, type, NONE) == NOTHING) throw new NoSuchElementException();
+        return needRoom(table.numberOf(Types.OTHER * Types.WIDTH));
     }
 
     public int chosenFor(int type) throws IndexOutOfBoundsException, IllegalArgumentException {
         needClosedInstance(type);
-        findBody(type);
-        return bodies.body(table.place(type));
+        long body = answer(BODY, type, NONE);
+        if (body == Instances.ITSELF) return Templates.ITSELF;
+        return body == Instances.UNSURE ? NOT_SURE : (int) body;
     }
 
     // ---- namespaces, classes, templates
@@ -131,7 +148,7 @@ public final class Overloadery {
             throws IndexOutOfBoundsException, IllegalArgumentException, IllegalStateException {
         needClass(cls);
         needType(type);
-        boolean isItself = table.token(type, 0) == TypeTable.CLASS + cls;
+        boolean isItself = table.head(type) == Types.CLASS + cls;
         if (isOpen(type) || isItself || hierarchy.hasConversion(cls, type, isFrom)) {
             throw new IllegalArgumentException();
         }
@@ -155,7 +172,7 @@ public final class Overloadery {
     public int setBase(int template, int specialisation, int type)
             throws IndexOutOfBoundsException, IllegalArgumentException {
         needTemplate(template);
-        if (specialisation != Bodies.ITSELF) needSpecialisation(template, specialisation);
+        if (specialisation != Templates.ITSELF) needSpecialisation(template, specialisation);
         if (type != NONE) {
             needType(type);
             if (!hasBases(type)) throw new IllegalArgumentException();
@@ -182,14 +199,7 @@ public final class Overloadery {
         needType(base);
         if (isOpen(type) || isOpen(base)) throw new IllegalArgumentException();
         if (!hasBases(type) || !hasBases(base)) throw new IllegalArgumentException();
-        int target = table.place(base);
-        startSearch(Search.LOOKS);
-        int steps = bodies.steps(table.place(type), target, table.head(target));
-        for (int i = 0; i < Call.MOST_NEEDED && bodies.needsOne(); i++) {
-            int needed = bodies.takeNeeded();
-            if (!search.finds(needed, Search.LOOKS)) search.answerAtLeast(needed);
-            steps = bodies.steps(table.place(type), target, table.head(target));
-        }
+        int steps = (int) answer(DISTANCE, type, base);
         if (steps == NONE) throw new NoSuchElementException();
         if (steps == SEVERAL) throw new UnsupportedOperationException();
         return steps;
@@ -240,22 +250,20 @@ public final class Overloadery {
         needNamespace(namespace);
         needName(name);
         gather(namespace, name);
-        return choice.count();
+        return call.candidateCount();
     }
 
     public boolean isViable(int function) throws IndexOutOfBoundsException {
         needFunction(function);
-        startSearch(Search.LOOKS);
-        return settles(function);
+        return answer(VIABLE, function, NONE) == 1;
     }
 
     public int coming(int function, int argument) throws IndexOutOfBoundsException, IllegalStateException {
         needFunction(function);
         if (argument < 0 || argument >= call.count()) throw new IndexOutOfBoundsException();
-        startSearch(Search.LOOKS);
-        if (!settles(function)) throw new IllegalStateException();
-        int way = call.wayOf(function, argument);
-        return call.isSure(function, argument) ? way : -1 - way;
+        int way = (int) answer(COMING, function, argument);
+        if (way == NOT_VIABLE) throw new IllegalStateException();
+        return way;
     }
 
     public int deduced(int function, int parameter)
@@ -263,11 +271,10 @@ public final class Overloadery {
             UnsupportedOperationException {
         needFunction(function);
         if (!isParameter(parameter)) throw new IndexOutOfBoundsException();
-        startSearch(Search.LOOKS);
-        if (!settles(function)) throw new IllegalStateException();
-        int type = call.bound(parameter);
-        if (type == NONE) throw new NoSuchElementException();
-        int number = table.number(type);
+        long answer = answer(DEDUCED, function, parameter);
+        if (answer == NOT_VIABLE) throw new IllegalStateException();
+        if (answer == NOTHING) throw new NoSuchElementException();
+        int number = table.numberOf(call.boundPlace(parameter));
         if (number == NONE) throw new UnsupportedOperationException();
         return number;
     }
@@ -276,22 +283,14 @@ public final class Overloadery {
         needNamespace(namespace);
         needName(name);
         gather(namespace, name);
-        startSearch(Search.LOOKS);
-        for (int i = 0; i < functions.count(); i++) {
-            if (choice.has(i) && !settles(i)) choice.drop(i);
-        }
-        return choice.answer(choice.bestByWalks());
+        return (int) answer(BEST, NONE, NONE);
     }
 
     public int resolveAnew(int namespace, int name) throws IndexOutOfBoundsException, IllegalArgumentException {
         needNamespace(namespace);
         needName(name);
         gather(namespace, name);
-        startSearch(Search.LOOKS);
-        for (int i = 0; i < functions.count(); i++) {
-            if (choice.has(i) && !settles(i)) choice.drop(i);
-        }
-        return choice.answer(choice.bestByPairs());
+        return (int) answer(BEST_ANEW, NONE, NONE);
     }
 
     // ---- objects
@@ -387,11 +386,7 @@ public final class Overloadery {
     public float viableShare() throws ArithmeticException {
         int all = functions.count();
         if (all == 0) throw new ArithmeticException();
-        int viable = 0;
-        startSearch(Search.LOOKS);
-        for (int i = 0; i < all; i++) {
-            if (settles(i)) viable++;
-        }
+        int viable = (int) answer(SHARE, NONE, NONE);
         return (float) viable / (float) all;
     }
 
@@ -405,56 +400,69 @@ public final class Overloadery {
         return (double) sum / (double) all;
     }
 
-    // ---- how bodies are found for a call
+    // ---- how answers are found
 
-    /** Forgets what was found of bodies; from now on there are so many looks at instances. */
-    private void startSearch(int looks) {
-        templates.findEnds();
-        likeness.renew();
-        table.forgetPassing();
-        bodies.startAnew();
-        search.startAnew(looks);
-    }
-
-    private void findBody(int type) {
-        int place = table.place(type);
-        startSearch(Search.LOOKS);
-        if (!search.finds(place, Search.LOOKS)) search.answerAtLeast(place);
-    }
-
-    /** Whether a function is viable; how the arguments come to its parameters is known then. A search must have begun. */
-    private boolean settles(int function) {
-        if (table.isFull() || search.isSpent()) startSearch(Search.FEW_LOOKS);
-        boolean isViable = call.settles(function);
-        for (int i = 0; i < Call.MOST_NEEDED && bodies.needsOne(); i++) {
-            int type = bodies.takeNeeded();
-            if (!search.finds(type, Search.LOOKS)) search.answerAtLeast(type);
-            isViable = call.settles(function);
+    /**
+     * The answer to a question. As long as it is not the same whatever bodies instances have of whom this is not known, their
+     * bodies are found; at last they have those that they have if what is open does not hold.
+     */
+    private long answer(int kind, int one, int two) {
+        if (kind < BEST) instances.forget();
+        int last = descent.looks() + LOOKS;
+        long answer = 0;
+        for (int level = 0; level <= Descent.LEVELS; level++) {
+            if (descent.looks() > last) level = Descent.LEVELS;
+            boolean isFound = true;
+            for (int round = 0; round < ROUNDS && isFound; round++) {
+                look.begin();
+                boolean isAlike = true;
+                boolean goesOn = true;
+                for (int run = 0; run < RUNS && goesOn; run++) {
+                    long now = kind <= DISTANCE ? look.answer(kind, one * Types.WIDTH, two * Types.WIDTH)
+                            : call.answer(kind, one, two);
+                    isAlike = run == 0 || now == answer;
+                    if (run == 0) answer = now;
+                    goesOn = isAlike && look.advances();
+                }
+                if (isAlike && !goesOn && !look.isOver()) return answer;
+                boolean isLast = level == Descent.LEVELS;
+                isFound = isLast;
+                for (int i = 1; i < look.stops(); i++) {
+                    long second = look.stopWord(i, 1);
+                    if (isLast) descent.settleAtLeast(look.stopWord(i, 0), second, look.stopWord(i, 2));
+                    else if (descent.finds(look.stopWord(i, 0), second, look.stopWord(i, 2), level)) isFound = true;
+                }
+            }
         }
-        return isViable;
+        return answer;
     }
 
     /** Finds the candidates of the call of a name. */
     private void gather(int namespace, int name) {
-        choice.begin(namespace, name);
-        for (int i = 0; i < call.count() && choice.lacksSome(); i++) {
-            templates.findEnds();
-            templates.lookBehind(call.argument(i));
-            boolean isDone = false;
-            for (int way = 0; way < Choice.WAYS && !isDone; way++) {
-                boolean isLast = way == Choice.WAYS - 1;
-                startSearch(isLast ? Search.LOOKS : Search.FEW_LOOKS);
-                choice.beginWalk(call.argument(i), way);
-                for (int j = 0; j < TypeTable.ROOM && choice.goesOn() && !search.isSpent(); j++) {
-                    int needed = bodies.takeNeeded();
-                    int looks = choice.isLate() ? Search.LOOKS : Search.LEAST_LOOKS;
-                    if (search.finds(needed, looks)) continue;
-                    if (!choice.isLate()) choice.putOff();
-                    else if (isLast) search.answerAtLeast(needed);
-                    else break;
-                }
-                isDone = choice.isDone();
+        instances.forget();
+        call.beginCandidates(namespace, name);
+        int contents = 0;
+        for (int i = 0; i < call.count(); i++) {
+            contents |= table.contents(call.argument(i));
+        }
+        walk.begin(call.wantedClasses(name), contents);
+        boolean isDone = call.count() == 0;
+        for (int i = 0; i < Descent.LEVELS * Walk.ORDERS && walk.lacksSome() && !isDone; i++) {
+            walk.start(i / Walk.ORDERS, i % Walk.ORDERS);
+            for (int j = 0; j < call.count(); j++) {
+                walk.put(call.argument(j));
             }
+            int last = descent.looks() + walk.mostLooks();
+            while (walk.goesOn()) {
+                walk.packOpen();
+                if (descent.looks() < last) descent.finds(table.first, table.second, table.third, walk.openLevel());
+                walk.goFromOpen();
+            }
+            walk.meetBehindUnknown();
+            isDone = walk.isDone();
+        }
+        for (int i = 0; i < functions.namespaces(); i++) {
+            if ((walk.found() >> i & 1) == 1) call.takesFrom(i, name);
         }
     }
 
@@ -505,7 +513,7 @@ public final class Overloadery {
 
     private void needClosedInstance(int type) {
         needType(type);
-        if (!TypeTable.isInstance(table.token(type, 0)) || isOpen(type)) throw new IllegalArgumentException();
+        if (!Types.isInstance(table.head(type)) || isOpen(type)) throw new IllegalArgumentException();
     }
 
     private void needConstraint(int parameter, char letter, int cls) {
@@ -519,18 +527,13 @@ public final class Overloadery {
         return type;
     }
 
-    private int numberFor(int head, int first, int second) {
-        table.forgetPassing();
-        return needRoom(table.number(table.made(head, first, second)));
-    }
-
     private boolean isOpen(int type) {
-        return table.isOpen(table.place(type));
+        return table.isOpen(type);
     }
 
     private boolean hasBases(int type) {
-        int head = table.token(type, 0);
-        return TypeTable.isClass(head) || TypeTable.isInstance(head);
+        int head = table.head(type);
+        return Types.isClass(head) || Types.isInstance(head);
     }
 
     private static boolean isParameter(int parameter) {
@@ -542,129 +545,88 @@ public final class Overloadery {
     }
 
     /**
-     * The types. Each is told by what stands ahead in it and by the one or two types that it is made of, and is there
-     * once, so that the same type has the same place. Those with a number, and the types in them, come first; behind
-     * them are the passing ones, which come about within a call and are forgotten ahead of the next search.
+     * The types. Each is a row of tokens, in which what stands ahead of a type comes first, and then those that it is made
+     * of. The first rows are those of the types that have a number; behind them are rows that calls use again.
      */
-    private static final class TypeTable {
+    private static final class Types {
         static final int TRUTH = 0;
         static final int LETTER = 1;
         static final int WHOLE = 2;
         static final int BASIC = 5;
-        static final int CLASS = 10;
-        static final int PARAMETER = 30;
-        static final int POINTER = 40;
-        static final int SINGLE = 50;
-        static final int TWOFOLD = 60;
-        /** No types: what stands for all pointers of a size, for all classes and instances, for all others. */
-        static final int LIKE_POINTER = 70;
-        static final int LIKE_CLASS = 71;
-        static final int LIKE_BASIC = 72;
-        static final int HEADS = 73;
+        static final int CLASS = 5;
+        static final int PARAMETER = 17;
+        static final int POINTER = 20;
+        static final int SINGLE = 21;
+        static final int TWOFOLD = 26;
 
         static final int NUMBERED = 150;
         static final int LARGEST = 30;
-        /** No bound of the document: that of the room in which the program lives. */
-        static final int ROOM = 900_000;
+        /** The places of a row. */
+        static final int WIDTH = 32;
 
-        /** What others note of a type during a search, 0 at first: the place of the bits in a row of longs. */
-        static final int BODY = 0;
-        static final int BASE = 21;
-        static final int LINK = 42;
-        static final int QUEUE = 64;
-        static final int ORIGIN = 85;
-        static final int NORM = 128;
-        static final int BLOCK = 149;
-        private static final int NOTE = (1 << 21) - 1;
-        private static final int WORD_AT = 6;
+        /** The rows behind the numbered ones: for an instance that is looked at, its bases; those of arguments. */
+        static final int OWN = NUMBERED;
+        static final int CHAIN = OWN + 1;
+        static final int TAKEN = CHAIN + Look.STEPS;
+        static final int LINE = TAKEN + Functions.EACH;
+        static final int WALKED = LINE + Look.STEPS;
+        static final int OTHER = WALKED + 1;
+        private static final int MADE = OTHER + 2;
+        private static final int ROWS = MADE + 1;
 
-        /** The row of a type: its shape, three longs of notes, and on which guesses its body depends, as bits. */
-        private static final int NOTES = 1;
-        private static final int REASONS = 4;
-        /** Where it is noted which type is ahead of one in a chain. */
-        private static final int CHAINED = 2;
-        private static final int CHAINED_AT = 42;
-        private static final int ROW = 5;
+        /** The frames of what parameters stand for. */
+        static final int FITTING = 0;
+        static final int PART = 1;
+        static final int OF_BASE = 2;
+        static final int DEDUCED = 3;
+        static final int TRIED = 4;
+        static final int SPECIAL = 5;
+        private static final int FRAMES = 6;
 
-        /** The rows become more three times, when there may be no more room for a base. */
-        private static final int FEW = 1 << 10;
-        private static final int SOME = 1 << 16;
-        private static final int MORE = 3;
-        private static final int SPARE = 100;
-        private static final int FEW_CHAINS = 1 << 11;
-        private static final int MANY_CHAINS = 1 << 17;
-        private static final int CROWD = 8;
-        private static final long SPREAD = 0x9E3779B97F4A7C15L;
-        private static final int SPREAD_AT = 40;
+        /** A type as three words: each token takes five bits, twelve of them a word. */
+        private static final int BITS = 5;
+        private static final int TOKEN = (1 << BITS) - 1;
+        private static final int WORD = 12;
+        private static final int TWO_WORDS = 24;
 
-        /**
-         * The shape of a type: what stands ahead in it and 1, its size, whether it is open, the places of its types and
-         * 1.
-         */
-        private static final int SIZE_AT = 7;
-        private static final int OPEN_AT = 12;
-        private static final int FIRST_AT = 13;
-        private static final int SECOND_AT = 33;
-        private static final int ALL_HEADS = (1 << SIZE_AT) - 1;
-        private static final int SIZES = (1 << OPEN_AT - SIZE_AT) - 1;
-        private static final int PLACES = (1 << SECOND_AT - FIRST_AT) - 1;
-
-        private long[] rows = new long[FEW * ROW];
-        /** Of each chain of types the last one and 1; the one ahead of it is noted. */
-        private int[] chains = new int[FEW_CHAINS];
-        private int count;
-        private boolean hasNotes;
-        private int lasting;
+        final int[] tokens = new int[ROWS * WIDTH];
+        /** For each place where a type begins, the place behind it. */
+        final int[] ends = new int[ROWS * WIDTH];
+        /** The places of what the parameters stand for, NONE for nothing. */
+        final int[] bound = new int[FRAMES * PARAMETERS];
+        /** The words of the type that was packed last. */
+        long first;
+        long second;
+        long third;
         private int numbered;
-        private final int[] places = new int[NUMBERED];
-        /** The types with a number once more, as rows, in which each type stands ahead of those that it is made of. */
-        private final int[] tokens = new int[NUMBERED * LARGEST];
-        private final int[] stack = new int[LARGEST + 1];
 
-        TypeTable() {
+        Types() {
             for (int i = 0; i < BASIC; i++) {
-                places[i] = kept(shape(i, NONE, NONE, 1, false));
-                tokens[i * LARGEST] = i;
+                tokens[i * WIDTH] = i;
+                ends[i * WIDTH] = i * WIDTH + 1;
             }
-            lasting = count;
             numbered = BASIC;
+            Arrays.fill(bound, NONE);
         }
 
-        static boolean isBasic(int head) {
-            return head >= 0 && head < BASIC;
+        static boolean isBasic(int token) {
+            return token >= 0 && token < BASIC;
         }
 
-        static boolean isClass(int head) {
-            return head >= CLASS && head < PARAMETER;
+        static boolean isClass(int token) {
+            return token >= CLASS && token < PARAMETER;
         }
 
-        static boolean isParameter(int head) {
-            return head >= PARAMETER && head < POINTER;
+        static boolean isParameter(int token) {
+            return token >= PARAMETER && token < POINTER;
         }
 
-        static boolean isLike(int head) {
-            return head >= LIKE_POINTER;
+        static boolean isInstance(int token) {
+            return token >= SINGLE;
         }
 
-        /** What stands for all types of the same kind, NONE for no type and for a parameter. */
-        static int likeHead(int head) {
-            if (head >= LIKE_POINTER) return head;
-            if (head >= SINGLE || head >= CLASS && head < PARAMETER) return LIKE_CLASS;
-            if (head == POINTER) return LIKE_POINTER;
-            return head >= 0 && head < BASIC ? LIKE_BASIC : NONE;
-        }
-
-        static boolean isInstance(int head) {
-            return head >= SINGLE && head < LIKE_POINTER;
-        }
-
-        static int templateOf(int head) {
-            return head >= TWOFOLD ? head - TWOFOLD : head - SINGLE;
-        }
-
-        static long shape(int head, int first, int second, int size, boolean isOpen) {
-            int low = head + 1 | size << SIZE_AT | (isOpen ? 1 << OPEN_AT : 0);
-            return low | (long) (first + 1) << FIRST_AT | (long) (second + 1) << SECOND_AT;
+        static int templateOf(int token) {
+            return token >= TWOFOLD ? token - TWOFOLD : token - SINGLE;
         }
 
         int numbered() {
@@ -675,266 +637,170 @@ public final class Overloadery {
             return number >= 0 && number < numbered;
         }
 
-        /** The place of a type with a number, NONE if there is none. */
-        int place(int number) {
-            return number >= 0 && number < numbered ? places[number] : NONE;
+        /** What stands ahead in a type with a number; NONE for no type. */
+        int head(int number) {
+            return number == NONE ? NONE : tokens[number * WIDTH];
         }
 
-        /** What stands at an index of the row of a type with a number, ahead in it at the index 0. */
-        int token(int number, int at) {
-            return tokens[number * LARGEST + at];
+        int size(int number) {
+            return number == NONE ? 0 : ends[number * WIDTH] - number * WIDTH;
         }
 
-        int count() {
-            return count;
-        }
-
-        /** Whether there may be no room for another base. */
-        boolean isFull() {
-            return count + SPARE > ROOM;
-        }
-
-        /** What stands ahead in a type: what it is, and of which class or template; NONE for no type. */
-        int head(int place) {
-            return place >= 0 && place < count ? ((int) rows[place * ROW] & ALL_HEADS) - 1 : NONE;
-        }
-
-        /** The number of types in it, counting each one as often as it is there; 0 for no type. */
-        int size(int place) {
-            return place >= 0 && place < count ? (int) (rows[place * ROW] >> SIZE_AT) & SIZES : 0;
-        }
-
-        boolean isOpen(int place) {
-            return place >= 0 && place < count && (rows[place * ROW] >> OPEN_AT & 1) == 1;
-        }
-
-        /** The first type that a type is made of, NONE if there is none. */
-        int first(int place) {
-            return place >= 0 && place < count ? ((int) (rows[place * ROW] >> FIRST_AT) & PLACES) - 1 : NONE;
-        }
-
-        int second(int place) {
-            return place >= 0 && place < count ? ((int) (rows[place * ROW] >> SECOND_AT) & PLACES) - 1 : NONE;
-        }
-
-        int note(int place, int kind) {
-            if (place < 0 || place >= count) return 0;
-            return (int) (rows[place * ROW + NOTES + (kind >> WORD_AT)] >> kind) & NOTE;
-        }
-
-        void setNote(int place, int kind, int value) {
-            if (place < 0 || place >= count) return;
-            int at = place * ROW + NOTES + (kind >> WORD_AT);
-            rows[at] = rows[at] & ~((long) NOTE << kind) | (long) value << kind;
-            hasNotes = true;
-        }
-
-        /** The guesses on which the body of a type depends, as bits. */
-        long reasons(int place) {
-            return place >= 0 && place < count ? rows[place * ROW + REASONS] : 0;
-        }
-
-        void setReasons(int place, long reasons) {
-            if (place >= 0 && place < count) rows[place * ROW + REASONS] = reasons;
-        }
-
-        /** The type that is made of up to two types; NONE if it would be too large. */
-        int made(int head, int first, int second) {
-            int size = 1 + size(first) + size(second);
-            if (size > LARGEST) return NONE;
-            return kept(shape(head, first, second, size, isParameter(head) || isOpen(first) || isOpen(second)));
-        }
-
-        /** The place of a type; NONE if it is not there, and there is no room for it. */
-        int kept(long shape) {
-            int chain = (int) (shape * SPREAD >>> SPREAD_AT) & chains.length - 1;
-            int at = chains[chain] - 1;
-            for (int i = 0; i < count && at >= 0; i++) {
-                if (rows[at * ROW] == shape) return at;
-                at = (int) (rows[at * ROW + CHAINED] >>> CHAINED_AT) - 1;
+        boolean isOpen(int number) {
+            for (int i = number * WIDTH; i < ends[number * WIDTH]; i++) {
+                if (isParameter(tokens[i])) return true;
             }
-            int row = count * ROW;
-            if (row + ROW > rows.length) return NONE;
-            for (int i = 0; i < ROW; i++) {
-                rows[row + i] = 0;
-            }
-            rows[row] = shape;
-            rows[row + CHAINED] = (long) chains[chain] << CHAINED_AT;
-            chains[chain] = ++count;
-            return count - 1;
+            return false;
         }
 
-        /** Makes the rows more if a base could be too much, and makes more chains if they have become long. */
-        void makeRoom() {
-            if ((count + SPARE) * ROW > rows.length && rows.length < ROOM * ROW) {
-                rows = Arrays.copyOf(rows, rows.length < SOME * ROW ? rows.length << MORE : ROOM * ROW);
-            }
-            if (count <= chains.length * CROWD || chains.length >= MANY_CHAINS) return;
-            chains = new int[chains.length * CROWD];
-            for (int place = 0; place < count; place++) {
-                int chain = (int) (rows[place * ROW] * SPREAD >>> SPREAD_AT) & chains.length - 1;
-                int at = place * ROW + CHAINED;
-                rows[at] = rows[at] & (1L << CHAINED_AT) - 1 | (long) chains[chain] << CHAINED_AT;
-                chains[chain] = place + 1;
+        /** Finds the ends of all types in a row, the last one first. */
+        private void parse(int from, int end) {
+            for (int at = end - 1; at >= from; at--) {
+                int token = tokens[at];
+                if (token < POINTER) ends[at] = at + 1;
+                else ends[at] = token < TWOFOLD ? ends[at + 1] : ends[ends[at + 1]];
             }
         }
 
-        /** Forgets the passing types and all notes. */
-        void forgetPassing() {
-            makeRoom();
-            if (!hasNotes && count <= lasting) return;
-            for (int place = count - 1; place >= lasting; place--) {
-                // The last type is the last one of its chain.
-                int chain = (int) (rows[place * ROW] * SPREAD >>> SPREAD_AT) & chains.length - 1;
-                chains[chain] = (int) (rows[place * ROW + CHAINED] >>> CHAINED_AT);
-            }
-            count = Math.min(count, lasting);
-            for (int place = 0; place < count; place++) {
-                long chained = rows[place * ROW + CHAINED] >>> CHAINED_AT << CHAINED_AT;
-                for (int i = NOTES; i < ROW; i++) {
-                    rows[place * ROW + i] = i == CHAINED ? chained : 0;
-                }
-            }
-            hasNotes = false;
+        private int copied(int from, int to) {
+            int length = ends[from] - from;
+            System.arraycopy(tokens, from, tokens, to, length);
+            return to + length;
         }
 
-        /** The number of a type, a new one if need be, which forgets the passing types; NONE if it can't have one. */
-        int number(int place) {
+        void copyRow(int place, int row) {
+            parse(row * WIDTH, copied(place, row * WIDTH));
+        }
+
+        boolean isSame(int place, int other) {
+            int length = ends[place] - place;
+            if (ends[other] - other != length) return false;
+            for (int i = 0; i < length; i++) {
+                if (tokens[place + i] != tokens[other + i]) return false;
+            }
+            return true;
+        }
+
+        /** The number of a type that is made of up to two types, NONE if it can't have one, or is too large. */
+        int numberFor(int head, int one, int other) {
+            if (1 + size(one) + size(other) > LARGEST) return NONE;
+            int at = MADE * WIDTH;
+            tokens[at++] = head;
+            if (one != NONE) at = copied(one * WIDTH, at);
+            if (other != NONE) at = copied(other * WIDTH, at);
+            parse(MADE * WIDTH, at);
+            return numberOf(MADE * WIDTH);
+        }
+
+        /** The number of a type, a new one if need be; NONE if it can't have one. */
+        int numberOf(int place) {
             for (int i = 0; i < numbered; i++) {
-                if (places[i] == place) return i;
+                if (isSame(i * WIDTH, place)) return i;
             }
-            if (place == NONE || numbered >= NUMBERED) return NONE;
-            int size = size(place);
-            int row = numbered * LARGEST;
-            writeRow(place, row);
-            forgetPassing();
-            places[numbered] = keptRow(row, size);
-            lasting = count;
+            if (numbered >= NUMBERED) return NONE;
+            copyRow(place, numbered);
             return numbered++;
         }
 
-        private void writeRow(int place, int row) {
-            int size = size(place);
-            int left = 0;
-            int at = place;
-            for (int i = 0; i < size; i++) {
-                tokens[row + i] = head(at);
-                int second = second(at);
-                if (second != NONE) stack[left++] = second;
-                at = first(at);
-                if (at == NONE && left > 0) at = stack[--left];
+        void pack(int place) {
+            int size = ends[place] - place;
+            first = 0;
+            second = 0;
+            third = 0;
+            for (int i = Math.min(size, WORD) - 1; i >= 0; i--) {
+                first = first << BITS | tokens[place + i];
+            }
+            for (int i = Math.min(size, TWO_WORDS) - 1; i >= WORD; i--) {
+                second = second << BITS | tokens[place + i];
+            }
+            for (int i = size - 1; i >= TWO_WORDS; i--) {
+                third = third << BITS | tokens[place + i];
             }
         }
 
-        private int keptRow(int row, int size) {
-            int left = 0;
-            for (int i = row + size - 1; i >= row; i--) {
-                int first = tokens[i] >= POINTER && left > 0 ? stack[--left] : NONE;
-                int second = tokens[i] >= TWOFOLD && left > 0 ? stack[--left] : NONE;
-                stack[left++] = made(tokens[i], first, second);
+        void unpack(long one, long two, long three, int row) {
+            int at = row * WIDTH;
+            int left = 1;
+            for (int i = 0; i < LARGEST && left > 0; i++) {
+                long word = i < WORD ? one : i < TWO_WORDS ? two : three;
+                int token = (int) (word >>> BITS * (i % WORD)) & TOKEN;
+                tokens[at++] = token;
+                left += token < POINTER ? -1 : token < TWOFOLD ? 0 : 1;
             }
-            return left > 0 ? stack[0] : NONE;
-        }
-
-        /** The classes and templates in a type, as bits, those of the classes first. */
-        int contents(int place) {
-            int size = size(place);
-            int all = 0;
-            int left = 0;
-            int at = place;
-            for (int i = 0; i < size; i++) {
-                int head = head(at);
-                if (isClass(head)) all |= 1 << head - CLASS;
-                if (isInstance(head)) all |= 1 << Hierarchy.CLASSES + templateOf(head);
-                int second = second(at);
-                if (second != NONE) stack[left++] = second;
-                at = first(at);
-                if (at == NONE && left > 0) at = stack[--left];
-            }
-            return all;
-        }
-    }
-
-    /** What the parameters stand for, in several frames that are used side by side. */
-    private static final class Bindings {
-        private final TypeTable table;
-        private final int[] types;
-        private final int[] stack = new int[TypeTable.LARGEST + 1];
-
-        Bindings(TypeTable table, int frames) {
-            this.table = table;
-            types = new int[(frames > 0 ? frames : 1) * PARAMETERS];
+            parse(row * WIDTH, at);
         }
 
         void empty(int frame) {
-            for (int i = 0; i < PARAMETERS; i++) {
-                types[frame * PARAMETERS + i] = NONE;
+            for (int i = frame * PARAMETERS; i < (frame + 1) * PARAMETERS; i++) {
+                bound[i] = NONE;
             }
         }
 
-        void copy(int from, int to) {
-            System.arraycopy(types, from * PARAMETERS, types, to * PARAMETERS, PARAMETERS);
+        void copyFrame(int from, int to) {
+            System.arraycopy(bound, from * PARAMETERS, bound, to * PARAMETERS, PARAMETERS);
         }
 
-        /** What a parameter stands for, NONE for nothing. */
-        int type(int frame, int parameter) {
-            return types[frame * PARAMETERS + parameter];
-        }
-
-        /** Lets a parameter stand for a type, unless it stands for another one. */
-        boolean stand(int frame, int parameter, int type) {
-            int slot = frame * PARAMETERS + parameter;
-            if (types[slot] == NONE) types[slot] = type;
-            return types[slot] == type;
-        }
-
-        /** Whether a pattern, which has a number, matches a type with what was matched before; the rest is gathered. */
-        boolean matches(int frame, int pattern, int type) {
-            int size = table.size(table.place(pattern));
-            int left = 0;
-            int at = type;
-            for (int i = 0; i < size; i++) {
-                int token = table.token(pattern, i);
-                int next = NONE;
-                if (TypeTable.isParameter(token)) {
-                    if (!stand(frame, token - TypeTable.PARAMETER, at)) return false;
-                } else {
-                    if (table.head(at) != token) return false;
-                    int second = table.second(at);
-                    if (second != NONE) stack[left++] = second;
-                    next = table.first(at);
+        /** Whether one or two patterns, which have numbers, match what stands from a place on; what is matched is gathered. */
+        boolean matches(int frame, int pattern, int secondPattern, int place) {
+            int at = place;
+            int number = pattern;
+            for (int i = 0; i < 2 && number != NONE; i++) {
+                int end = ends[number * WIDTH];
+                for (int j = number * WIDTH; j < end; j++) {
+                    int token = tokens[j];
+                    if (!isParameter(token)) {
+                        if (tokens[at++] != token) return false;
+                        continue;
+                    }
+                    int slot = frame * PARAMETERS + token - PARAMETER;
+                    int known = bound[slot];
+                    int length = ends[at] - at;
+                    if (known == NONE) bound[slot] = at;
+                    else if (ends[known] - known != length) return false;
+                    for (int k = 0; k < length && known != NONE; k++) {
+                        if (tokens[known + k] != tokens[at + k]) return false;
+                    }
+                    at += length;
                 }
-                at = next == NONE && left > 0 ? stack[--left] : next;
+                number = secondPattern;
             }
             return true;
         }
 
         /**
-         * A type, which has a number, with the types for which its parameters stand, none of which is open; NONE if one
-         * stands for nothing, or if it would be too large.
+         * Writes a type, which has a number, into a row, with the types for which its parameters stand; false if one stands
+         * for nothing, or if it would be too large.
          */
-        int replaced(int frame, int number) {
-            int size = table.size(table.place(number));
-            int whole = 0;
-            for (int i = 0; i < size; i++) {
-                int token = table.token(number, i);
-                boolean isParameter = TypeTable.isParameter(token);
-                int part = isParameter ? table.size(types[frame * PARAMETERS + token - TypeTable.PARAMETER]) : 1;
-                whole = part == 0 ? TypeTable.LARGEST + 1 : whole + part;
+        boolean builds(int frame, int number, int row) {
+            int at = row * WIDTH;
+            int last = at + LARGEST;
+            int end = ends[number * WIDTH];
+            for (int i = number * WIDTH; i < end; i++) {
+                int from = i;
+                int to = i + 1;
+                if (isParameter(tokens[i])) {
+                    from = bound[frame * PARAMETERS + tokens[i] - PARAMETER];
+                    if (from == NONE) return false;
+                    to = ends[from];
+                }
+                if (at + to - from > last) return false;
+                for (; from < to; from++) {
+                    tokens[at++] = tokens[from];
+                }
             }
-            int left = 0;
-            for (int i = size - 1; i >= 0 && whole <= TypeTable.LARGEST; i--) {
-                int token = table.token(number, i);
-                int first = token >= TypeTable.POINTER && left > 0 ? stack[--left] : NONE;
-                int second = token >= TypeTable.TWOFOLD && left > 0 ? stack[--left] : NONE;
-                int part = 1 + table.size(first) + table.size(second);
-                boolean isParameter = TypeTable.isParameter(token);
-                int type = isParameter ? types[frame * PARAMETERS + token - TypeTable.PARAMETER]
-                        : table.kept(TypeTable.shape(token, first, second, part, false));
-                if (type == NONE) return NONE;
-                stack[left++] = type;
+            parse(row * WIDTH, at);
+            return true;
+        }
+
+        /** The classes and templates in a type, as bits, those of the classes first. */
+        int contents(int place) {
+            int all = 0;
+            for (int i = place; i < ends[place]; i++) {
+                int token = tokens[i];
+                if (isClass(token)) all |= 1 << token - CLASS;
+                if (isInstance(token)) all |= 1 << Hierarchy.CLASSES + templateOf(token);
             }
-            return left > 0 ? stack[0] : NONE;
+            return all;
         }
     }
 
@@ -946,41 +812,48 @@ public final class Overloadery {
         static final int TEMPLATES = 5;
         static final int EACH = 4;
         static final int MOST_CONSTRAINTS = 4;
-        static final int ROW = 2;
+        /** The number of the template itself among its bodies. */
+        static final int ITSELF = -1;
+        private static final int ROW = 2;
         private static final int FITTINGS = 1 << EACH;
         private static final int SETS = TEMPLATES * EACH + Functions.FUNCTIONS;
+        /** What a parameter can stand for, as bits. */
+        private static final int POINTERS = 1;
+        private static final int CLASSES = 2;
+        private static final int BASICS = 4;
+        private static final int ANYTHING = 15;
+        private static final int UNBOUND = 8;
 
-        private final TypeTable table;
+        private final Types types;
         private final Hierarchy hierarchy;
-        private final Bindings bindings;
         private int count;
         private final int[] parameters = new int[TEMPLATES];
         private final int[] specialisations = new int[TEMPLATES];
         private final int[] patterns = new int[TEMPLATES * EACH * ROW];
         private final int[] bases = new int[TEMPLATES * (EACH + 1)];
         private final boolean[] isOver = new boolean[TEMPLATES * EACH * EACH];
-        private final int[] chosen = new int[TEMPLATES * FITTINGS];
+        /** For each template, and the specialisations that fit and those that may, the bodies that can be, all as bits. */
+        private final int[] possible = new int[TEMPLATES * FITTINGS * FITTINGS];
         private final int[] constraintCounts = new int[SETS];
         private final int[] constrained = new int[SETS * MOST_CONSTRAINTS];
         private final char[] letters = new char[SETS * MOST_CONSTRAINTS];
         private final int[] classes = new int[SETS * MOST_CONSTRAINTS];
-        /** For each set and parameter, the classes of its constraints 'd', as bits. */
+        /** For each set and parameter, what it can stand for, and the classes of its constraints 'd', as bits. */
+        private final int[] allowed = new int[SETS * PARAMETERS];
         private final int[] wanted = new int[SETS * PARAMETERS];
         /** For each number of steps, the classes at which the bases of an instance can end at most, as bits. */
-        private final int[] ends = new int[(Bodies.STEPS + 1) * TEMPLATES];
+        private final int[] ends = new int[(Look.STEPS + 1) * TEMPLATES];
         /** For each number of steps by which an instance was come to, the classes to which it can lead at most, as bits. */
-        private final int[] led = new int[(Bodies.STEPS + 1) * TEMPLATES];
-        /** The classes to which a specialisation asks that something leads, as bits. */
-        private int allWanted;
+        private final int[] led = new int[(Look.STEPS + 1) * TEMPLATES];
         /** The classes and templates that can be met by way of an instance, as bits. */
         private final int[] behind = new int[TEMPLATES];
         private int changes;
         private int changesSeen = NONE;
 
-        Templates(TypeTable table, Hierarchy hierarchy) {
-            this.table = table;
+        Templates(Types types, Hierarchy hierarchy) {
+            this.types = types;
             this.hierarchy = hierarchy;
-            bindings = new Bindings(table, 1);
+            Arrays.fill(allowed, ANYTHING);
         }
 
         /** The set of constraints of a specialisation. */
@@ -1004,44 +877,26 @@ public final class Overloadery {
             return patterns[(template * EACH + specialisation) * ROW + at];
         }
 
-        /** How often something of the templates was changed. */
-        int changes() {
-            return changes;
-        }
-
         int base(int template, int body) {
             return bases[template * (EACH + 1) + body + 1];
         }
 
-        /** Whether one specialisation is more special than another one. */
-        boolean isOver(int template, int own, int other) {
-            return isOver[(template * EACH + own) * EACH + other];
-        }
-
-        /** The body that is chosen if these specialisations fit, both as bits. */
-        int chosen(int template, int fitting) {
-            return chosen[template * FITTINGS + fitting];
+        /** The bodies that can be chosen if some specialisations fit, and others may, all as bits. */
+        int possible(int template, int sure, int maybe) {
+            return possible[(template * FITTINGS + sure) * FITTINGS + maybe];
         }
 
         int constraints(int set) {
             return constraintCounts[set];
         }
 
-        /** Whether what a parameter stands for is of the kind that the constraints ask for. */
+        /** Whether a parameter can stand for what begins so, NONE for nothing. */
         boolean suits(int set, int parameter, int head) {
-            int like = TypeTable.likeHead(head);
-            for (int i = set * MOST_CONSTRAINTS; i < set * MOST_CONSTRAINTS + constraintCounts[set]; i++) {
-                char letter = letters[i];
-                int asked = letter == 'p' ? TypeTable.LIKE_POINTER
-                        : letter == 'b' ? TypeTable.LIKE_BASIC : TypeTable.LIKE_CLASS;
-                if (constrained[i] == parameter && like != asked) return false;
-            }
-            return true;
-        }
-
-        /** The classes at which the bases of an instance can end at most by so many steps, as bits. */
-        int ends(int template, int steps) {
-            return ends[steps * TEMPLATES + template];
+            int kind = CLASSES;
+            if (head == NONE) kind = UNBOUND;
+            else if (head == Types.POINTER) kind = POINTERS;
+            else if (Types.isBasic(head)) kind = BASICS;
+            return (allowed[set * PARAMETERS + parameter] & kind) != 0;
         }
 
         /** The classes to which an instance that was come to by some steps can lead at most, as bits. */
@@ -1049,19 +904,19 @@ public final class Overloadery {
             return led[step * TEMPLATES + template];
         }
 
-        /** The classes to which a specialisation asks that something leads, as bits. */
-        int allWanted() {
-            return allWanted;
-        }
-
         /** The classes to which the type of a parameter must lead, as bits. */
         int wanted(int set, int parameter) {
             return wanted[set * PARAMETERS + parameter];
         }
 
+        /** How often something was changed on which bodies depend. */
+        int changes() {
+            return changes + hierarchy.changes();
+        }
+
         int put(int howMany) {
             parameters[count] = howMany;
-            for (int body = Bodies.ITSELF; body < EACH; body++) {
+            for (int body = ITSELF; body < EACH; body++) {
                 bases[count * (EACH + 1) + body + 1] = NONE;
             }
             compareAll(count);
@@ -1092,6 +947,7 @@ public final class Overloadery {
             // The class of another letter has no meaning, so it must not tell two constraints apart.
             classes[place] = letter == 'd' ? cls : NONE;
             if (letter == 'd') wanted[set * PARAMETERS + parameter] |= 1 << cls;
+            allowed[set * PARAMETERS + parameter] &= letter == 'p' ? POINTERS : letter == 'b' ? BASICS : CLASSES;
             return ++constraintCounts[set];
         }
 
@@ -1105,8 +961,13 @@ public final class Overloadery {
                             parameters[template], ownPlace, otherPlace);
                 }
             }
-            for (int fitting = 0; fitting < FITTINGS; fitting++) {
-                chosen[template * FITTINGS + fitting] = foundFirst(template, fitting);
+            for (int maybe = 0; maybe < FITTINGS; maybe++) {
+                int one = maybe & -maybe;
+                for (int sure = 0; sure < FITTINGS; sure++) {
+                    int at = (template * FITTINGS + sure) * FITTINGS;
+                    possible[at + maybe] = maybe == 0 ? foundFirst(template, sure)
+                            : possible[at + maybe - one] | possible(template, sure | one, maybe - one);
+                }
             }
         }
 
@@ -1116,11 +977,11 @@ public final class Overloadery {
                 boolean isFirst = (fitting >> own & 1) == 1;
                 for (int other = 0; other < EACH && isFirst; other++) {
                     boolean isRival = other != own && (fitting >> other & 1) == 1;
-                    if (isRival && !isOver(template, own, other)) isFirst = false;
+                    if (isRival && !isOver[place(template, own) * EACH + other]) isFirst = false;
                 }
                 if (isFirst) return 1 << own;
             }
-            return fitting == 0 ? Bodies.ITSELF_BIT : Bodies.UNSURE_BIT;
+            return fitting == 0 ? 1 << Instances.ITSELF : 1 << Instances.UNSURE;
         }
 
         /** Whether one row of patterns, with a set of constraints, is more special than another one. */
@@ -1131,9 +992,10 @@ public final class Overloadery {
         }
 
         private boolean matchesAll(int[] rows, int matching, int matched, int length) {
-            bindings.empty(0);
+            types.empty(Types.SPECIAL);
             for (int i = 0; i < length; i++) {
-                if (!bindings.matches(0, rows[matching + i], table.place(rows[matched + i]))) return false;
+                int place = rows[matched + i] * Types.WIDTH;
+                if (!types.matches(Types.SPECIAL, rows[matching + i], NONE, place)) return false;
             }
             return true;
         }
@@ -1153,38 +1015,33 @@ public final class Overloadery {
             return false;
         }
 
-        /** To be called ahead of a search, as templates or classes may have changed. */
+        /** To be called ahead of a question, as templates or classes may have changed. */
         void findEnds() {
-            int now = changes + hierarchy.changes();
-            if (now == changesSeen) return;
-            changesSeen = now;
-            for (int steps = 1; steps <= Bodies.STEPS; steps++) {
+            if (changes() == changesSeen) return;
+            changesSeen = changes();
+            for (int steps = 1; steps <= Look.STEPS; steps++) {
                 for (int i = 0; i < count; i++) {
                     int all = 0;
-                    for (int body = Bodies.ITSELF; body < specialisations[i]; body++) {
-                        int head = canBeChosen(i, body) ? table.head(table.place(base(i, body))) : NONE;
-                        if (TypeTable.isClass(head)) all |= 1 << head - TypeTable.CLASS;
-                        if (TypeTable.isInstance(head)) all |= ends(TypeTable.templateOf(head), steps - 1);
+                    for (int body = ITSELF; body < specialisations[i]; body++) {
+                        int head = canBeChosen(i, body) ? types.head(base(i, body)) : NONE;
+                        if (Types.isClass(head)) all |= 1 << head - Types.CLASS;
+                        if (Types.isInstance(head)) all |= ends[(steps - 1) * TEMPLATES + Types.templateOf(head)];
                     }
                     ends[steps * TEMPLATES + i] = all;
                 }
             }
-            for (int step = 0; step < Bodies.STEPS; step++) {
+            for (int step = 0; step < Look.STEPS; step++) {
                 for (int i = 0; i < count; i++) {
                     led[step * TEMPLATES + i] = foundLed(i, step);
                 }
-            }
-            allWanted = 0;
-            for (int i = 0; i < TEMPLATES * EACH * PARAMETERS; i++) {
-                allWanted |= wanted[i];
             }
         }
 
         private int foundLed(int template, int step) {
             int all = 0;
-            for (int next = step + 1; next <= Bodies.STEPS; next++) {
+            for (int next = step + 1; next <= Look.STEPS; next++) {
                 for (int cls = 0; cls < hierarchy.count(); cls++) {
-                    if ((ends(template, next - step) >> cls & 1) == 1) all |= hierarchy.led(cls, next);
+                    if ((ends[(next - step) * TEMPLATES + template] >> cls & 1) == 1) all |= hierarchy.led(cls, next);
                 }
             }
             return all;
@@ -1194,7 +1051,7 @@ public final class Overloadery {
         private boolean canBeChosen(int template, int body) {
             if (isNeverFirst(template, body)) return false;
             boolean isPossible = true;
-            for (int i = 0; i < PARAMETERS && isPossible && body != Bodies.ITSELF; i++) {
+            for (int i = 0; i < PARAMETERS && isPossible && body != ITSELF; i++) {
                 int classes = wanted(place(template, body), i);
                 isPossible = classes == 0;
                 for (int cls = 0; cls < hierarchy.count() && !isPossible; cls++) {
@@ -1208,24 +1065,23 @@ public final class Overloadery {
         private boolean isNeverFirst(int template, int body) {
             for (int i = 0; i < specialisations[template]; i++) {
                 boolean isRival = i != body && alwaysFits(template, i);
-                if (isRival && (body == Bodies.ITSELF || !isOver(template, body, i))) return true;
+                if (!isRival) continue;
+                if (body == ITSELF || !isOver[place(template, body) * EACH + i]) return true;
             }
             return false;
         }
 
         private boolean alwaysFits(int template, int specialisation) {
-            int first = table.head(table.place(pattern(template, specialisation, 0)));
-            int second = table.head(table.place(pattern(template, specialisation, 1)));
+            int first = types.head(pattern(template, specialisation, 0));
+            int second = types.head(pattern(template, specialisation, 1));
             boolean isSingle = parameters[template] == 1;
-            boolean isAny = TypeTable.isParameter(first) && (isSingle || TypeTable.isParameter(second));
+            boolean isAny = Types.isParameter(first) && (isSingle || Types.isParameter(second));
             return isAny && first != second && constraintCounts[place(template, specialisation)] == 0;
         }
 
-        /**
-         * Finds what can be met by way of a type, or of any one if it is NONE, as bits.
-         */
-        void lookBehind(int type) {
-            int about = type == NONE ? (1 << Hierarchy.CLASSES + TEMPLATES) - 1 : table.contents(type);
+        /** Finds what can be met by way of instances, if classes and templates are about, which are told as bits. */
+        void lookBehind(int present) {
+            int about = present;
             for (int i = 0; i < TEMPLATES * (EACH + 1); i++) {
                 for (int template = 0; template < count; template++) {
                     if (isIn(template, about)) about |= contentsOfBases(template, about);
@@ -1247,15 +1103,11 @@ public final class Overloadery {
             return (contents >> Hierarchy.CLASSES + template & 1) == 1;
         }
 
-        /** The classes that can be met by way of a type, its parts and its bases at most, as bits. */
-        int classesBehind(int type) {
-            int all = table.contents(type);
-            for (int template = 0; template < count; template++) {
-                if (isIn(template, all)) all |= behind[template];
-            }
+        /** The classes that can be met by way of the bases of an instance, but for those in it, as bits. */
+        int classesBehind(int template) {
             int found = 0;
             for (int cls = 0; cls < hierarchy.count(); cls++) {
-                if ((all >> cls & 1) == 1) found |= hierarchy.allBases(cls);
+                if ((behind[template] >> cls & 1) == 1) found |= hierarchy.allBases(cls);
             }
             return found;
         }
@@ -1263,26 +1115,26 @@ public final class Overloadery {
         /** The classes and templates in the bases that a template can have, with these classes and templates about. */
         private int contentsOfBases(int template, int about) {
             int all = 0;
-            for (int body = Bodies.ITSELF; body < specialisations[template]; body++) {
-                boolean isPossible = canBeChosen(template, body);
-                for (int i = 0; i < PARAMETERS && isPossible && body != Bodies.ITSELF; i++) {
+            for (int body = ITSELF; body < specialisations[template]; body++) {
+                int base = base(template, body);
+                boolean isPossible = base != NONE && canBeChosen(template, body);
+                for (int i = 0; i < PARAMETERS && isPossible && body != ITSELF; i++) {
                     isPossible = canHold(place(template, body), i, about);
                 }
-                if (isPossible) all |= table.contents(table.place(base(template, body)));
+                if (isPossible) all |= types.contents(base * Types.WIDTH);
             }
             return all;
         }
 
         /** Whether the constraints of a parameter may hold, with these classes and templates about. */
         private boolean canHold(int set, int parameter, int about) {
-            if (canHoldFor(set, parameter, TypeTable.POINTER)) return true;
-            if (canHoldFor(set, parameter, TypeTable.TRUTH)) return true;
+            if (canHoldFor(set, parameter, Types.POINTER)) return true;
+            if (canHoldFor(set, parameter, Types.TRUTH)) return true;
             for (int i = 0; i < Hierarchy.CLASSES; i++) {
-                if ((about >> i & 1) == 1 && canHoldFor(set, parameter, TypeTable.CLASS + i)) return true;
+                if ((about >> i & 1) == 1 && canHoldFor(set, parameter, Types.CLASS + i)) return true;
             }
             for (int i = 0; i < count; i++) {
-                boolean isAbout = (about >> Hierarchy.CLASSES + i & 1) == 1;
-                if (isAbout && canHoldFor(set, parameter, TypeTable.SINGLE + i)) return true;
+                if (isIn(i, about) && canHoldFor(set, parameter, Types.SINGLE + i)) return true;
             }
             return false;
         }
@@ -1291,9 +1143,9 @@ public final class Overloadery {
             if (!suits(set, parameter, head)) return false;
             int classes = wanted(set, parameter);
             if (classes == 0) return true;
-            if (TypeTable.isClass(head)) return hierarchy.leads(head - TypeTable.CLASS, classes, 0);
-            if (!TypeTable.isInstance(head)) return false;
-            return hierarchy.oneLeads(ends(TypeTable.templateOf(head), Bodies.STEPS), classes, 1);
+            if (Types.isClass(head)) return hierarchy.leads(head - Types.CLASS, classes, 0);
+            if (!Types.isInstance(head)) return false;
+            return hierarchy.oneLeads(ends[Look.STEPS * TEMPLATES + Types.templateOf(head)], classes, 1);
         }
     }
 
@@ -1317,7 +1169,7 @@ public final class Overloadery {
         /** For each two classes, the parts to which there is a way without a virtual base. */
         private final int[] innerParts = new int[CLASSES * CLASSES];
         /** For each number of steps by which a class was come to, the classes to which it leads, as bits. */
-        private final int[] led = new int[(Bodies.STEPS + 1) * CLASSES];
+        private final int[] led = new int[(Look.STEPS + 1) * CLASSES];
         /** The virtual bases of a class in the order in which they are made. */
         private final int[] virtuals = new int[CLASSES * CLASSES];
         private final int[] virtualCounts = new int[CLASSES];
@@ -1477,11 +1329,11 @@ public final class Overloadery {
         }
 
         private void findLed(int cls) {
-            for (int step = 0; step <= Bodies.STEPS; step++) {
+            for (int step = 0; step <= Look.STEPS; step++) {
                 int all = 0;
                 for (int base = 0; base <= cls; base++) {
                     int steps = steps(cls, base);
-                    boolean isLed = step == 0 ? parts(cls, base) == 1 : step + steps <= Bodies.STEPS;
+                    boolean isLed = step == 0 ? parts(cls, base) == 1 : step + steps <= Look.STEPS;
                     if (steps != NONE && isLed) all |= 1 << base;
                 }
                 led[step * CLASSES + cls] = all;
@@ -1576,1411 +1428,1662 @@ public final class Overloadery {
     }
 
     /**
-     * What is known of the bodies of instances, and what follows from it: which specialisations fit, the bases, and the
-     * steps to them.
+     * The instances whose bodies are looked for, each with the bodies that it can have. The body of one can follow from
+     * that of another one: then it is bound to this by a map, which tells a body for each body.
      */
-    private static final class Bodies {
-        static final int ITSELF = -1;
-        static final int UNSURE = -2;
-        static final int STEPS = 6;
-        /** Bodies as bits: behind those of the specialisations that of the template itself, and no sure one. */
-        static final int ITSELF_BIT = 1 << Templates.EACH;
-        static final int UNSURE_BIT = 1 << Templates.EACH + 1;
-        private static final int BITS = Templates.EACH + 2;
-        private static final int ALL = (1 << BITS) - 1;
-        /** Noted are the bodies that can be, behind them that which is an answer alone, and whether it can be any one. */
-        private static final int FREE = 1 << BITS + BITS;
-        /**
-         * The manners to look: from one that is known on to the base of what stands for all like it, if its own one was not
-         * found; only to its own one; and to those for all bodies that an instance can have.
-         */
-        static final int BY_LIKENESS = 0;
-        static final int PLAIN = 1;
-        static final int DEEP = 2;
-        /** The link of an instance that was come to in the round with this mark. */
-        static final int TRIED = 1 << 20;
+    private static final class Instances {
+        /** Bodies as codes, behind those of the specialisations. As bits, they are sets. */
+        static final int ITSELF = Templates.EACH;
+        static final int UNSURE = Templates.EACH + 1;
+        static final int BODIES = Templates.EACH + 2;
+        static final int ALL = (1 << BODIES) - 1;
 
-        /** Whether a constraint holds. */
-        private static final int NO = 1;
-        private static final int YES = 2;
-        private static final int EITHER = NO | YES;
+        /** A map has three bits for each body; it tells NOWHERE for those that can't be. */
+        static final int SAME = 4 << 12 | 5 << 15 | 1 << 3 | 2 << 6 | 3 << 9;
+        static final int NOWHERE = 7;
+        private static final int CODE = 3;
 
-        /** How many of those are kept that tell more about a specialisation; each is an instance, or one of its bodies. */
-        private static final int MOST = 8;
-        private static final int BODY_AT = 20;
-        private static final int PLACES = (1 << BODY_AT) - 1;
+        /** The row of an instance: the three words of its type, its state, its marks. */
+        private static final int STATE = 3;
+        private static final int MARKS = 4;
+        private static final int ROW = 5;
+        /** The state: the bodies, whether one was settled, whether it is bound, to which one, by which map, and more. */
+        private static final int SETTLED_AT = 6;
+        private static final int BOUND_AT = 7;
+        private static final int TO_AT = 8;
+        private static final int MAP_AT = 30;
+        private static final int STRICT_AT = 48;
+        private static final int PLACES = (1 << 22) - 1;
+        private static final int MAPS = (1 << 18) - 1;
+        /** The marks: the walk that came to it, when, whether it has left it, whether that was told earlier; and a place. */
+        private static final int TIME_AT = 20;
+        private static final int LEFT_AT = 41;
+        private static final int LOWERED_AT = 42;
+        private static final int PLACE_AT = 43;
+        static final int MOST_WALKS = (1 << 20) - 2;
+        private static final int WALKS = (1 << 20) - 1;
+        private static final int TIMES = (1 << 21) - 1;
 
-        private static final int BLOCK = Templates.EACH + 1;
-        private static final int BLOCKS = 1 << 16;
-        private static final int FEW_BLOCKS = 64;
-        private static final int MORE = 3;
+        /** No bounds of the document: those of the room in which the program lives. */
+        private static final int FEW = 1 << 6;
+        private static final int MORE = 5;
+        static final int MOST = 1 << 19;
+        private static final int CROWD = MOST - MOST / 4;
+        static final int MOST_MEMBERS = 1 << 15;
 
-        /** The frames of bindings. */
-        private static final int FITTING = 0;
-        private static final int OF_BASE = 1;
+        private int count;
+        private long[] rows = new long[FEW * ROW];
+        /** The instances and 1, each at a place that its words tell, or at the next one that is free. */
+        private int[] index = new int[FEW * 2];
+        /** The map of the one that was followed last. */
+        private int map;
+        /** Those for which bodies are tried, and the guesses on which the bodies of each depend, as bits. */
+        private int members;
+        private int[] memberRow = new int[0];
+        private long[] reasons = new long[0];
 
-        private final TypeTable table;
-        private final Hierarchy hierarchy;
-        private final Templates templates;
-        private final Bindings bindings;
-        /** The bases of instances that can have several bodies, for each one. */
-        private int[] blocks = new int[0];
-        private int blockCount;
-        private int looks;
-        private int needed;
-        private int manner;
-        private int mark;
-        /** What the last look has told: the specialisations that fit, and those that may, as bits. */
-        private int template;
-        private int sure;
-        private int maybe;
-        private long reasons;
-        private long reasonsOfOne;
-        /** What would tell more, for each specialisation, and for those that matter. */
-        private int stop;
-        private int asking;
-        private final int[] stops = new int[Templates.EACH * MOST];
-        private final int[] stopCounts = new int[Templates.EACH];
-        private int open;
-        private final int[] openStops = new int[Templates.EACH * MOST];
-
-        Bodies(TypeTable table, Hierarchy hierarchy, Templates templates) {
-            this.table = table;
-            this.hierarchy = hierarchy;
-            this.templates = templates;
-            bindings = new Bindings(table, OF_BASE + 1);
+        static boolean isSingle(int set) {
+            return (set & set - 1) == 0;
         }
 
-        /** The bodies that an instance can have, as bits; 0 if it was not looked at, and it can have any. */
-        int set(int type) {
-            return table.note(type, TypeTable.BODY) & ALL;
-        }
-
-        void putSet(int type, int set) {
-            table.setNote(type, TypeTable.BODY, table.note(type, TypeTable.BODY) & ~ALL | set);
-        }
-
-        /** The body that follows from what is known, or from guesses, as a bit; 0 if there is none yet. */
-        int known(int type) {
-            int set = table.note(type, TypeTable.BODY) & ALL;
-            return (set & set - 1) == 0 ? set : 0;
-        }
-
-        /** The body that was found, whether something follows from it or not; 0 if there is none yet. */
-        int found(int type) {
-            int note = table.note(type, TypeTable.BODY);
-            int set = note & ALL;
-            return set != 0 && (set & set - 1) == 0 ? set : note >> BITS & ALL;
-        }
-
-        /** Lets an instance have a body from which other ones follow. */
-        void know(int type, int body) {
-            putSet(type, body);
-            table.setNote(type, TypeTable.BASE, foundBase(type, body) + 2);
-        }
-
-        /** Takes such a body away, and gives back those that the instance could have. */
-        void forget(int type, int set) {
-            table.setNote(type, TypeTable.BODY, table.note(type, TypeTable.BODY) & ~ALL | set);
-            table.setNote(type, TypeTable.BASE, 0);
-        }
-
-        /** Lets an instance have the body of what stands for all that are like it; its own base is not needed for that. */
-        void share(int type) {
-            putSet(type, known(table.note(type, TypeTable.NORM) - 1));
-        }
-
-        /** Lets an instance have a body from which nothing follows for other ones. */
-        void answer(int type, int body) {
-            table.setNote(type, TypeTable.BODY, table.note(type, TypeTable.BODY) & ~(ALL << BITS) | body << BITS);
-            table.setNote(type, TypeTable.BASE, foundBase(type, found(type)) + 2);
-        }
-
-        /** Lets an instance have whatever body, as there is no way to choose it. */
-        void free(int type) {
-            table.setNote(type, TypeTable.BODY, table.note(type, TypeTable.BODY) | FREE);
-        }
-
-        boolean isFree(int type) {
-            return (table.note(type, TypeTable.BODY) & FREE) != 0;
-        }
-
-        private int foundBase(int type, int body) {
-            int template = TypeTable.templateOf(table.head(type));
-            int at = index(body);
-            bindings.empty(OF_BASE);
-            if (at == Templates.EACH) {
-                bindings.stand(OF_BASE, 0, table.first(type));
-                bindings.stand(OF_BASE, 1, table.second(type));
-            } else if (at < Templates.EACH) {
-                bindings.matches(OF_BASE, templates.pattern(template, at, 0), table.first(type));
-                bindings.matches(OF_BASE, templates.pattern(template, at, 1), table.second(type));
+        /** The code of the first body of a set. */
+        static int code(int set) {
+            int code = 0;
+            while (code < UNSURE && (set >> code & 1) == 0) {
+                code++;
             }
-            int told = at > Templates.EACH ? NONE : templates.base(template, at == Templates.EACH ? ITSELF : at);
-            return told == NONE ? NONE : bindings.replaced(OF_BASE, told);
+            return code;
         }
 
-        private static int index(int body) {
-            int at = 0;
-            while (at <= Templates.EACH && body != 1 << at) {
-                at++;
-            }
-            return at;
+        static int mapped(int map, int code) {
+            return map >> code * CODE & NOWHERE;
         }
 
-        /** Finds what would tell more: the base of an instance for one of its bodies. Tells whether there is room. */
-        boolean tell(int more) {
-            int type = more & PLACES;
-            int body = more >> BODY_AT;
-            if (known(type) != 0) {
-                table.setNote(type, TypeTable.BASE, foundBase(type, body) + 2);
-                return true;
-            }
-            int block = table.note(type, TypeTable.BLOCK) - 1;
-            if (block < 0) {
-                if (blockCount == BLOCKS) return false;
-                block = blockCount++;
-                if (blockCount * BLOCK > blocks.length) {
-                    blocks = Arrays.copyOf(blocks, Math.max(FEW_BLOCKS * BLOCK, blocks.length << MORE));
-                }
-                table.setNote(type, TypeTable.BLOCK, block + 1);
-                for (int i = 0; i < BLOCK; i++) {
-                    blocks[block * BLOCK + i] = 0;
-                }
-            }
-            blocks[block * BLOCK + index(body)] = foundBase(type, body) + 2;
-            return true;
-        }
-
-        void putManner(int manner) {
-            this.manner = manner;
-        }
-
-        int manner() {
-            return manner;
-        }
-
-        /** From now on those are left out of what would tell more that were come to with this mark; none if it is 0. */
-        void putMark(int mark) {
-            this.mark = mark;
-        }
-
-        private boolean matches(int type, int specialisation) {
-            bindings.empty(FITTING);
-            return bindings.matches(FITTING, templates.pattern(template, specialisation, 0), table.first(type))
-                    && bindings.matches(FITTING, templates.pattern(template, specialisation, 1), table.second(type));
-        }
-
-        /** How often instances were looked at. */
-        int looks() {
-            return looks;
-        }
-
-        /** The bodies that an instance can have, for what is known of others, as bits. */
-        int look(int type) {
-            looks++;
-            template = TypeTable.templateOf(table.head(type));
-            sure = 0;
-            maybe = 0;
-            reasons = 0;
-            for (int i = 0; i < templates.specialisations(template); i++) {
-                stopCounts[i] = 0;
-                int fits = matches(type, i) ? fits(i) : NO;
-                if (fits == YES) sure |= 1 << i;
-                if (fits == EITHER) maybe |= 1 << i;
-            }
-            open = 0;
-            return maybe == 0 ? templates.chosen(template, sure) : combined();
-        }
-
-        /** Whether the constraints of a specialisation hold. */
-        private int fits(int specialisation) {
-            int set = Templates.place(template, specialisation);
-            for (int i = 0; i < PARAMETERS; i++) {
-                if (!templates.suits(set, i, table.head(bindings.type(FITTING, i)))) return NO;
-            }
-            asking = specialisation;
-            long all = 0;
-            int fits = YES;
-            for (int i = 0; i < PARAMETERS && fits != NO; i++) {
-                int classes = templates.wanted(set, i);
-                reasonsOfOne = 0;
-                int leads = classes == 0 ? YES : leads(bindings.type(FITTING, i), classes, 0);
-                if (leads != YES) fits = leads;
-                all = leads == NO ? reasonsOfOne : all | reasonsOfOne;
-            }
-            if (fits == NO) stopCounts[specialisation] = 0;
-            if (fits != EITHER) reasons |= all;
-            return fits;
-        }
-
-        /** Whether a type that was come to by some steps leads to all these classes, which are bits. */
-        private int leads(int type, int classes, int step) {
-            int head = table.head(type);
-            if (TypeTable.isLike(head)) return (classes & ~table.first(type)) == 0 ? YES : NO;
-            if (TypeTable.isClass(head)) {
-                return (classes & ~hierarchy.led(head - TypeTable.CLASS, step)) == 0 ? YES : NO;
-            }
-            if (!TypeTable.isInstance(head) || step >= STEPS) return NO;
-            if ((classes & ~templates.led(TypeTable.templateOf(head), step)) != 0) return NO;
-            int set = table.note(type, TypeTable.BODY) & ALL;
-            boolean isKnown = set != 0 && (set & set - 1) == 0;
-            reasonsOfOne |= table.reasons(type);
-            int base = isKnown ? table.note(type, TypeTable.BASE) : 0;
-            boolean isLent = isKnown && base == 0 && manner == BY_LIKENESS;
-            if (isLent) base = table.note(table.note(type, TypeTable.NORM) - 1, TypeTable.BASE);
-            if (base != 0) return leads(base - 2, classes, step + 1);
-            int block = table.note(type, TypeTable.BLOCK) - 1;
-            boolean isAny = isKnown || manner == DEEP && set != 0;
-            int answer = isAny ? leadsByAny(type, classes, step, set, block) : EITHER;
-            int link = table.note(type, TypeTable.LINK);
-            boolean isNew = mark == 0 || link == 0 || link >= TRIED && link != mark;
-            if (answer == EITHER && !isKnown && isNew && stopCounts[asking] < MOST) {
-                stops[asking * MOST + stopCounts[asking]++] = type;
-            }
-            return answer;
-        }
-
-        /** The same for an instance that can have several bodies. */
-        private int leadsByAny(int type, int classes, int step, int set, int block) {
-            looks++;
-            int answer = (set & UNSURE_BIT) == 0 ? 0 : NO;
-            for (int i = 0; i < BLOCK; i++) {
-                if ((set >> i & 1) == 0) continue;
-                int base = block < 0 ? 0 : blocks[block * BLOCK + i];
-                if (base != 0) answer |= leads(base - 2, classes, step + 1);
-                else answer = EITHER;
-                if (base == 0 && stopCounts[asking] < MOST) {
-                    stops[asking * MOST + stopCounts[asking]++] = type | 1 << i + BODY_AT;
-                }
-            }
-            return answer;
-        }
-
-        /** The bodies that can be chosen if some specialisations fit and others may; and what would tell more. */
-        private int combined() {
+        /** The bodies that a map tells for a set of bodies. */
+        static int image(int map, int set) {
             int all = 0;
-            int mattering = 0;
-            for (int more = 0; more <= maybe; more++) {
-                if ((more & ~maybe) != 0) continue;
-                int chosen = templates.chosen(template, sure | more);
-                all |= chosen;
-                for (int i = 0; i < Templates.EACH; i++) {
-                    int one = 1 << i & maybe & ~more;
-                    if (one != 0 && templates.chosen(template, sure | more | one) != chosen) mattering |= one;
-                }
-            }
-            for (int i = 0; i < Templates.EACH; i++) {
-                for (int j = 0; j < stopCounts[i] && (mattering >> i & 1) == 1; j++) {
-                    openStops[open++] = stops[i * MOST + j];
-                }
+            for (int i = 0; i < BODIES; i++) {
+                int code = mapped(map, i);
+                if ((set >> i & 1) == 1 && code != NOWHERE) all |= 1 << code;
             }
             return all;
         }
 
-        /** The guesses from which follows what the last look has told, as bits. */
-        long reasons() {
-            return reasons;
+        /** The bodies for which a map tells one of a set. */
+        static int origin(int map, int set) {
+            int all = 0;
+            for (int i = 0; i < BODIES; i++) {
+                int code = mapped(map, i);
+                if (code != NOWHERE && (set >> code & 1) == 1) all |= 1 << i;
+            }
+            return all;
         }
 
-        /** How much there is that would tell more in the last look. */
-        int open() {
-            return open;
+        /** The map that tells what one map tells for what another one tells. */
+        static int chained(int map, int inner) {
+            int all = 0;
+            for (int i = 0; i < BODIES; i++) {
+                int code = mapped(inner, i);
+                all |= (code == NOWHERE ? NOWHERE : mapped(map, code)) << i * CODE;
+            }
+            return all;
         }
 
-        /** An instance of which it would tell more what body it has; NONE if it is one of its bases. */
-        int openStop(int at) {
-            return openStops[at] > PLACES ? NONE : openStops[at];
+        /** A number that tells a type apart from others. */
+        static long mixed(long one, long two, long three) {
+            long mixed = one * 0x9E3779B97F4A7C15L ^ two * 0xC2B2AE3D27D4EB4FL ^ three * 0x165667B19E3779F9L;
+            mixed = (mixed ^ mixed >>> 29) * 0xBF58476D1CE4E5B9L;
+            return mixed ^ mixed >>> 32;
         }
 
-        /** What would tell more: the base of an instance for one of its bodies; NONE if there is none. */
-        int openBase() {
-            for (int i = 0; i < open; i++) {
-                if (openStops[i] > PLACES) return openStops[i];
+        int find(long one, long two, long three) {
+            int mask = index.length - 1;
+            int at = (int) mixed(one, two, three) & mask;
+            for (int i = 0; i <= mask && index[at] != 0; i++) {
+                int row = (index[at] - 1) * ROW;
+                if (rows[row] == one && rows[row + 1] == two && rows[row + 2] == three) return index[at] - 1;
+                at = at + 1 & mask;
             }
             return NONE;
         }
 
-        /** The body that the last look has told, if what is open does not hold. */
-        int chosenAtLeast() {
-            return templates.chosen(template, sure);
+        /** Puts an instance that is not there yet; NONE if there is no room. */
+        int put(long one, long two, long three, int set) {
+            if (count >= MOST) return NONE;
+            if ((count + 1) * ROW > rows.length) grow();
+            int row = count * ROW;
+            rows[row] = one;
+            rows[row + 1] = two;
+            rows[row + 2] = three;
+            rows[row + STATE] = set;
+            rows[row + MARKS] = 0;
+            enter(count);
+            return count++;
         }
 
-        /** To be called when the notes of all types were forgotten. */
-        void startAnew() {
-            needed = NONE;
-            blockCount = 0;
-        }
-
-        /** Whether the body of an instance is to be found first for what was asked for. */
-        boolean needsOne() {
-            return needed != NONE;
-        }
-
-        /** The instance whose body is to be found first, NONE if there is none; it is forgotten then. */
-        int takeNeeded() {
-            int type = needed;
-            needed = NONE;
-            return type;
-        }
-
-        /** The specialisation that an instance that was found has as its body, ITSELF or UNSURE. */
-        int body(int type) {
-            int body = found(type);
-            for (int i = 0; i < Templates.EACH; i++) {
-                if (body == 1 << i) return i;
+        private void enter(int id) {
+            int mask = index.length - 1;
+            int row = id * ROW;
+            int at = (int) mixed(rows[row], rows[row + 1], rows[row + 2]) & mask;
+            for (int i = 0; i <= mask && index[at] != 0; i++) {
+                at = at + 1 & mask;
             }
-            return body == ITSELF_BIT ? ITSELF : UNSURE;
+            index[at] = id + 1;
         }
 
-        /** The base of an instance, NONE if it has none, or if it is needed to find it first. */
-        int base(int type) {
-            int base = table.note(type, TypeTable.BASE);
-            if (base == 0 && needed == NONE) needed = type;
-            return base == 0 ? NONE : base - 2;
-        }
-
-        /** Whether it is known to what a type leads, by likeness; if not, one without a body is where the way stops. */
-        boolean isLedKnown(int type) {
-            looks++;
-            int at = type;
-            for (int step = 0; step < STEPS; step++) {
-                int head = table.head(at);
-                boolean mayLead = TypeTable.isInstance(head)
-                        && (templates.led(TypeTable.templateOf(head), step) & templates.allWanted()) != 0;
-                if (!mayLead) return true;
-                stop = at;
-                int set = table.note(at, TypeTable.BODY) & ALL;
-                if (set == 0 || (set & set - 1) != 0) return false;
-                int base = table.note(at, TypeTable.BASE);
-                at = (base != 0 ? base : table.note(table.note(at, TypeTable.NORM) - 1, TypeTable.BASE)) - 2;
+        private void grow() {
+            int next = Math.min(MOST, rows.length / ROW << MORE);
+            rows = Arrays.copyOf(rows, next * ROW);
+            index = new int[next * 2];
+            for (int i = 0; i < count; i++) {
+                enter(i);
             }
-            return true;
         }
 
-        /** The last one at which a way stopped. */
-        int stop() {
-            return stop;
-        }
-
-        /**
-         * The classes to which a type leads and for which a specialisation asks, as bits; by likeness, or else a base may be
-         * needed first.
-         */
-        int led(int type, boolean isByLikeness) {
-            int at = type;
-            for (int step = 0; step <= STEPS; step++) {
-                int head = table.head(at);
-                if (TypeTable.isLike(head)) return table.first(at);
-                if (TypeTable.isClass(head)) return hierarchy.led(head - TypeTable.CLASS, step) & templates.allWanted();
-                if (!TypeTable.isInstance(head) || step == STEPS) return 0;
-                if ((templates.led(TypeTable.templateOf(head), step) & templates.allWanted()) == 0) return 0;
-                int base = table.note(at, TypeTable.BASE);
-                boolean isLent = base == 0 && isByLikeness;
-                if (isLent) base = table.note(table.note(at, TypeTable.NORM) - 1, TypeTable.BASE);
-                if (base == 0 && needed == NONE) needed = at;
-                if (base == 0) return 0;
-                at = base - 2;
-            }
-            return 0;
-        }
-
-        /** Whether the constraints of a set hold for what the parameters stand for. */
-        boolean areMet(Bindings standing, int frame, int set) {
-            for (int i = 0; i < PARAMETERS; i++) {
-                if (!templates.suits(set, i, table.head(standing.type(frame, i)))) return false;
-            }
-            for (int i = 0; i < PARAMETERS; i++) {
-                int type = standing.type(frame, i);
-                for (int cls = 0; cls < hierarchy.count(); cls++) {
-                    boolean isWanted = (templates.wanted(set, i) >> cls & 1) == 1;
-                    if (isWanted && steps(type, NONE, TypeTable.CLASS + cls) < 0) return false;
+        /** Forgets all instances; the last ones first, so that those ahead of them are still found. */
+        void forget() {
+            int mask = index.length - 1;
+            for (int id = count - 1; id >= 0; id--) {
+                int row = id * ROW;
+                int at = (int) mixed(rows[row], rows[row + 1], rows[row + 2]) & mask;
+                for (int i = 0; i <= mask && index[at] != id + 1; i++) {
+                    at = at + 1 & mask;
                 }
+                index[at] = 0;
             }
-            return true;
-        }
-
-        /**
-         * The steps from a type to a base, 0 to itself; NONE if it is no base, SEVERAL if there are several parts. For
-         * a class what stands ahead in its type is enough.
-         */
-        int steps(int type, int target, int targetHead) {
-            int at = type;
-            for (int step = 0; step <= STEPS && at != NONE; step++) {
-                if (at == target) return step;
-                int head = table.head(at);
-                if (TypeTable.isClass(head)) return classSteps(head, targetHead, step);
-                if (!TypeTable.isInstance(head) || step == STEPS) return NONE;
-                if (found(at) == 0 && !mayLead(head, targetHead, step)) return NONE;
-                at = base(at);
-            }
-            return NONE;
-        }
-
-        /** Whether an instance that was come to by some steps may lead to what is asked for. */
-        private boolean mayLead(int head, int target, int step) {
-            if (!TypeTable.isClass(target)) return true;
-            return (templates.led(TypeTable.templateOf(head), step) >> target - TypeTable.CLASS & 1) == 1;
-        }
-
-        /** The same as steps, from a class that was come to by some steps. */
-        private int classSteps(int head, int target, int step) {
-            if (!TypeTable.isClass(target)) return NONE;
-            int cls = head - TypeTable.CLASS;
-            int base = target - TypeTable.CLASS;
-            int steps = hierarchy.steps(cls, base);
-            if (steps == NONE || hierarchy.leads(cls, 1 << base, step)) return steps == NONE ? NONE : step + steps;
-            return step == 0 ? SEVERAL : NONE;
-        }
-    }
-
-    /**
-     * The guesses of a search, and the instances whose bodies depend on them. Which guesses these are is told by bits, the
-     * last of which is for all guesses behind the others.
-     */
-    private static final class Guesses {
-        private static final int LAST_BIT = 62;
-
-        /**
-         * A guess: for whom, the bodies that are left to try, how many there were on the trail ahead of it, how many
-         * guesses there were when it was seen to go with what follows from it, 0 if it was not; and the earlier guesses
-         * with which the bodies that were tried do not go.
-         */
-        private static final int GUESSED = 0;
-        private static final int UNTRIED = 1;
-        private static final int AHEAD = 2;
-        private static final int SEEN = 3;
-        private static final int CONFLICT = 4;
-        private static final int ROW = 5;
-        private static final int MOST = 1 << 12;
-
-        /** On the trail stands a type, and behind it the bodies that it could have ahead of that. */
-        private static final int SET_AT = 20;
-        private static final int PLACES = (1 << SET_AT) - 1;
-        private static final int MOST_ON_TRAIL = 1 << 18;
-        private static final int FEW = 1 << 10;
-        private static final int MORE = 4;
-
-        private final TypeTable table;
-        private final Bodies bodies;
-        private int count;
-        private long[] rows = new long[0];
-        private int trailed;
-        private int[] trail = new int[0];
-        /** The guesses that do not go with one another; and the first one for whom no body goes with the others then. */
-        private long conflict;
-        private int without = NONE;
-
-        Guesses(TypeTable table, Bodies bodies) {
-            this.table = table;
-            this.bodies = bodies;
+            count = 0;
+            members = 0;
         }
 
         int count() {
             return count;
         }
 
-        boolean isFull() {
-            return count >= MOST || trailed + 1 >= MOST_ON_TRAIL;
+        boolean isCrowded() {
+            return count > CROWD;
         }
 
-        /** The instance for which was guessed. */
-        int type(int guess) {
-            return (int) rows[guess * ROW + GUESSED];
+        long word(int id, int at) {
+            return rows[id * ROW + at];
         }
 
-        /** The first instance for which there was no other body since the last clash, but for those with whatever body. */
-        int without() {
-            return without;
+        // ---- what is known
+
+        int set(int id) {
+            return (int) rows[id * ROW + STATE] & ALL;
         }
 
-        boolean isSeen(int guess) {
-            return rows[guess * ROW + SEEN] != 0;
+        void putSet(int id, int set) {
+            int at = id * ROW + STATE;
+            rows[at] = rows[at] & ~(long) ALL | set;
         }
 
-        /** Notes that a guess goes with what follows from it. */
-        void see(int guess) {
-            rows[guess * ROW + SEEN] = count;
+        /** Lets an instance have a body whether this follows from others or not. */
+        void settle(int id, int set) {
+            rows[id * ROW + STATE] = set | 1L << SETTLED_AT;
         }
 
-        /** The last guess that was not seen to go with what follows from it, NONE if there is none. */
-        int lastUnseen() {
-            for (int i = count - 1; i >= 0; i--) {
-                if (rows[i * ROW + SEEN] == 0) return i;
+        boolean isSettled(int id) {
+            return (rows[id * ROW + STATE] >> SETTLED_AT & 1) == 1;
+        }
+
+        /** Notes that an instance may have no body for some bodies of others. */
+        void restrict(int id) {
+            rows[id * ROW + STATE] |= 1L << STRICT_AT;
+        }
+
+        boolean isStrict(int id) {
+            return (rows[id * ROW + STATE] >> STRICT_AT & 1) == 1;
+        }
+
+        boolean isBound(int id) {
+            return (rows[id * ROW + STATE] >> BOUND_AT & 1) == 1;
+        }
+
+        void bind(int id, int to, int map) {
+            rows[id * ROW + STATE] = 1L << BOUND_AT | (long) to << TO_AT | (long) map << MAP_AT;
+        }
+
+        /** The one to which an instance is bound by one or more maps, or itself; how is told by map(). */
+        int follow(int id) {
+            int at = id;
+            map = SAME;
+            int hops = 0;
+            for (; hops < MOST && isBound(at); hops++) {
+                long state = rows[at * ROW + STATE];
+                map = chained(map, (int) (state >> MAP_AT) & MAPS);
+                at = (int) (state >> TO_AT) & PLACES;
             }
-            return NONE;
+            if (hops > 0 && image(map, set(at)) == 0) {
+                // The other one was settled otherwise than by what it was bound with.
+                rows[id * ROW + STATE] = ALL;
+                map = SAME;
+                return id;
+            }
+            if (hops > 1) bind(id, at, map);
+            return at;
         }
 
-        boolean hasUntried() {
-            for (int i = 0; i < count; i++) {
-                if (rows[i * ROW + UNTRIED] != 0) return true;
+        int map() {
+            return map;
+        }
+
+        /** The bodies that an instance can have, by way of the one to which it is bound. */
+        int whole(int id) {
+            int at = follow(id);
+            return image(map, set(at));
+        }
+
+        // ---- marks
+
+        void come(int id, int walk, int time, int place) {
+            rows[id * ROW + MARKS] = walk | (long) time << TIME_AT | (long) place << PLACE_AT;
+        }
+
+        int walk(int id) {
+            return (int) rows[id * ROW + MARKS] & WALKS;
+        }
+
+        int time(int id) {
+            return (int) (rows[id * ROW + MARKS] >> TIME_AT) & TIMES;
+        }
+
+        /** Lets an instance have been come to earlier, as one that was come to then depends on it. */
+        void lower(int id, int time) {
+            int at = id * ROW + MARKS;
+            rows[at] = rows[at] & ~((long) TIMES << TIME_AT) | (long) time << TIME_AT | 1L << LOWERED_AT;
+        }
+
+        boolean isLowered(int id) {
+            return (rows[id * ROW + MARKS] >> LOWERED_AT & 1) == 1;
+        }
+
+        boolean isLeft(int id) {
+            return (rows[id * ROW + MARKS] >> LEFT_AT & 1) == 1;
+        }
+
+        void leave(int id) {
+            rows[id * ROW + MARKS] |= 1L << LEFT_AT;
+        }
+
+        int place(int id) {
+            return (int) (rows[id * ROW + MARKS] >> PLACE_AT);
+        }
+
+        // ---- members
+
+        int members() {
+            return members;
+        }
+
+        int member(int at) {
+            return memberRow[at];
+        }
+
+        void clearMembers() {
+            members = 0;
+        }
+
+        /** Takes an instance among the members, unless there is no room. */
+        boolean takes(int id) {
+            if (members >= MOST_MEMBERS) return false;
+            if (members == memberRow.length) {
+                memberRow = Arrays.copyOf(memberRow, Math.min(MOST_MEMBERS, Math.max(FEW, members << MORE)));
+                reasons = Arrays.copyOf(reasons, memberRow.length);
+            }
+            int at = id * ROW + MARKS;
+            rows[at] = rows[at] & (1L << PLACE_AT) - 1 | (long) members << PLACE_AT;
+            memberRow[members] = id;
+            reasons[members++] = 0;
+            return true;
+        }
+
+        boolean isMember(int id) {
+            int place = place(id);
+            return place < members && memberRow[place] == id;
+        }
+
+        /** The guesses on which the body of an instance depends, as bits. */
+        long reasons(int id) {
+            return isMember(id) ? reasons[place(id)] : 0;
+        }
+
+        void putReasons(int id, long guesses) {
+            if (isMember(id)) reasons[place(id)] = guesses;
+        }
+    }
+
+    /**
+     * Looks at instances: which bodies one can have, for what is known of others, and on whose bodies this depends. Where
+     * one of these is not known, each one that can be is supposed, one after another.
+     */
+    private static final class Look {
+        static final int STEPS = 6;
+        /** Whether a constraint holds. */
+        private static final int NO = 0;
+        private static final int YES = 1;
+        private static final int OPEN = 2;
+
+        /** How many bodies are supposed at once, and how often; what needs more must be found in parts. */
+        static final int MOST = 40;
+        private static final int RUNS = 1 << 10;
+        private static final int WORDS = 3;
+        private static final int SET = 1;
+        private static final int SUPPOSED = 2;
+        private static final int ROW = 3;
+        private static final int ASKED = 3;
+        /** A body as a set, once for each body that can be supposed of another one. */
+        private static final long FOR_ALL = 1 | 1 << 6 | 1 << 12 | 1 << 18 | 1 << 24 | 1L << 30;
+
+        private final Types types;
+        private final Hierarchy hierarchy;
+        private final Templates templates;
+        private final Instances instances;
+        /**
+         * Those for which something is supposed: the words of each one; its place among the instances or NONE, its bodies,
+         * and that which is supposed, or NONE. The first one is that which is looked at.
+         */
+        private final long[] words = new long[MOST * WORDS];
+        private final int[] rows = new int[MOST * ROW];
+        private int stops;
+        /** For whom something is supposed, in this order, and what is left to suppose. */
+        private final int[] supposals = new int[MOST * 2];
+        private int supposed;
+        private boolean doesSuppose;
+        private boolean isOver;
+        /** The constraints that are open: the specialisation, the place of the type, and the classes to which it must lead. */
+        private final int[] asked = new int[Templates.EACH * PARAMETERS * ASKED];
+        private int open;
+        /** What was found of the one that was looked at: its bodies; for each body of the only other one, its own ones. */
+        private int template;
+        private int sure;
+        private int set;
+        private long byOther;
+        private boolean isStrict;
+        private long reasons;
+        private int looks;
+        /** On whose bodies those depend that were asked for last: its place or NONE, its bodies, and how. */
+        private int decider;
+        private int deciding;
+        private int map;
+
+        Look(Types types, Hierarchy hierarchy, Templates templates, Instances instances) {
+            this.types = types;
+            this.hierarchy = hierarchy;
+            this.templates = templates;
+            this.instances = instances;
+        }
+
+        int looks() {
+            return looks;
+        }
+
+        /** The bodies that the one that was looked at can have. */
+        int set() {
+            return set;
+        }
+
+        long reasons() {
+            return reasons;
+        }
+
+        /** Whether too much had to be supposed, so that something may be missing. */
+        boolean isOver() {
+            return isOver;
+        }
+
+        /** Whether the one that was looked at has no body for something that was supposed of others. */
+        boolean isStrict() {
+            return isStrict && stops > 1 && !isOver;
+        }
+
+        /** How many there are for which something was supposed; the first one is that which was looked at. */
+        int stops() {
+            return stops;
+        }
+
+        int stopId(int at) {
+            return rows[at * ROW];
+        }
+
+        int stopSet(int at) {
+            return rows[at * ROW + SET];
+        }
+
+        long stopWord(int at, int word) {
+            return words[at * WORDS + word];
+        }
+
+        /** The body that the one that was looked at has if no open constraint holds. */
+        int leastBody() {
+            return templates.possible(template, sure, 0);
+        }
+
+        /** How the one that was looked at follows from the only other one, as a map; NONE if it does not. */
+        int mapFromOther() {
+            if (stops != 2 || isOver) return NONE;
+            int map = 0;
+            for (int i = 0; i < Instances.BODIES; i++) {
+                int own = (int) (byOther >> i * Instances.BODIES) & Instances.ALL;
+                boolean isThere = (stopSet(1) >> i & 1) == 1;
+                if (isThere && (own == 0 || !Instances.isSingle(own))) return NONE;
+                map |= (isThere ? Instances.code(own) : Instances.NOWHERE) << i * 3;
+            }
+            return map;
+        }
+
+        /** Begins a question about several instances. */
+        void begin() {
+            templates.findEnds();
+            aim(NONE, NONE, NONE, NONE);
+            forget();
+            doesSuppose = true;
+        }
+
+        private void forget() {
+            stops = 1;
+            rows[SET] = 0;
+            rows[SUPPOSED] = NONE;
+            supposed = 0;
+            isOver = false;
+            reasons = 0;
+        }
+
+        void aim(long one, long two, long three, int id) {
+            words[0] = one;
+            words[1] = two;
+            words[2] = three;
+            rows[0] = id;
+        }
+
+        void aimAt(int id) {
+            aim(instances.word(id, 0), instances.word(id, 1), instances.word(id, 2), id);
+        }
+
+        /** Aims at one for which something was supposed. */
+        void aimAtStop(int at) {
+            aim(words[at * WORDS], words[at * WORDS + 1], words[at * WORDS + 2], rows[at * ROW]);
+        }
+
+        /** Looks at the one at which it is aimed. */
+        void look() {
+            looks++;
+            forget();
+            doesSuppose = false;
+            types.unpack(words[0], words[1], words[2], Types.OWN);
+            int own = Types.OWN * Types.WIDTH;
+            template = Types.templateOf(types.tokens[own]);
+            isStrict = false;
+            open = 0;
+            sure = 0;
+            int maybe = 0;
+            int rest = (1 << templates.specialisations(template)) - 1;
+            set = templates.possible(template, sure, rest);
+            for (int i = 0; i < templates.specialisations(template) && !Instances.isSingle(set); i++) {
+                rest &= ~(1 << i);
+                int fits = fitsOwn(i, own);
+                if (fits == YES) sure |= 1 << i;
+                if (fits == OPEN) maybe |= 1 << i;
+                set = templates.possible(template, sure, maybe | rest);
+            }
+            if (!Instances.isSingle(set)) suppose(maybe);
+        }
+
+        /** Whether a specialisation fits the one that is looked at, for what is known; what is open is noted. */
+        private int fitsOwn(int specialisation, int own) {
+            int pattern = templates.pattern(template, specialisation, 0);
+            int second = templates.pattern(template, specialisation, 1);
+            types.empty(Types.FITTING);
+            if (!types.matches(Types.FITTING, pattern, second, own + 1)) return NO;
+            int constraints = Templates.place(template, specialisation);
+            int fits = fits(Types.FITTING, constraints);
+            if (fits != OPEN) return fits;
+            int before = open;
+            for (int i = 0; i < PARAMETERS; i++) {
+                int classes = templates.wanted(constraints, i);
+                if (classes == 0) continue;
+                int place = types.bound[Types.FITTING * PARAMETERS + i];
+                int leads = leads(place, classes);
+                if (leads == NO) {
+                    open = before;
+                    return NO;
+                }
+                if (leads == OPEN) {
+                    asked[open * ASKED] = specialisation;
+                    asked[open * ASKED + 1] = place;
+                    asked[open * ASKED + 2] = classes;
+                    open++;
+                }
+            }
+            return open == before ? YES : OPEN;
+        }
+
+        /** Whether the constraints of a set hold for what is matched, as far as its kind tells it. */
+        private int fits(int frame, int constraints) {
+            int fits = YES;
+            for (int i = 0; i < PARAMETERS; i++) {
+                int place = types.bound[frame * PARAMETERS + i];
+                int head = place == NONE ? NONE : types.tokens[place];
+                if (!templates.suits(constraints, i, head)) return NO;
+                int classes = templates.wanted(constraints, i);
+                if (classes == 0) continue;
+                if (Types.isClass(head)) {
+                    if (!hierarchy.leads(head - Types.CLASS, classes, 0)) return NO;
+                } else if ((classes & ~templates.led(Types.templateOf(head), 0)) != 0) {
+                    return NO;
+                } else {
+                    fits = OPEN;
+                }
+            }
+            return fits;
+        }
+
+        /** Finds the bodies by supposing, one after another, all bodies of those on which they depend. */
+        private void suppose(int maybe) {
+            doesSuppose = true;
+            byOther = 0;
+            int all = 0;
+            boolean goesOn = true;
+            for (int run = 0; run < RUNS && goesOn; run++) {
+                int fitting = sure;
+                int rest = maybe;
+                int possible = 0;
+                for (int i = 0; i < open && (i == 0 || !Instances.isSingle(possible)); ) {
+                    int specialisation = asked[i * ASKED];
+                    boolean holds = true;
+                    for (; i < open && asked[i * ASKED] == specialisation; i++) {
+                        holds = holds && leads(asked[i * ASKED + 1], asked[i * ASKED + 2]) == YES;
+                    }
+                    rest &= ~(1 << specialisation);
+                    if (holds) fitting |= 1 << specialisation;
+                    possible = templates.possible(template, fitting, rest);
+                }
+                int own = rows[SUPPOSED];
+                if (own == NONE || (possible >> own & 1) == 1) {
+                    all |= possible;
+                    int other = stops > 1 ? rows[ROW + SUPPOSED] : NONE;
+                    byOther |= other == NONE ? FOR_ALL * possible : (long) possible << other * Instances.BODIES;
+                } else {
+                    isStrict = true;
+                }
+                goesOn = advances();
+            }
+            if (goesOn) isOver = true;
+            if (!isOver) set = all;
+        }
+
+        /** Goes on to suppose something else; false if there is nothing else. */
+        boolean advances() {
+            while (supposed > 0 && !isOver) {
+                int at = (supposed - 1) * 2;
+                int row = supposals[at] * ROW;
+                int left = supposals[at + 1];
+                if (left != 0) {
+                    rows[row + SUPPOSED] = Instances.code(left);
+                    supposals[at + 1] = left & left - 1;
+                    return true;
+                }
+                rows[row + SUPPOSED] = NONE;
+                supposed--;
             }
             return false;
         }
 
-        static long bit(int guess) {
+        /** Whether a type leads to all these classes, which are bits; OPEN if it is not known and nothing is supposed. */
+        int leads(int type, int classes) {
+            int at = type;
+            for (int step = 0; step < STEPS; step++) {
+                int head = types.tokens[at];
+                if (Types.isClass(head)) return hierarchy.leads(head - Types.CLASS, classes, step) ? YES : NO;
+                if (!Types.isInstance(head)) return NO;
+                if ((classes & ~templates.led(Types.templateOf(head), step)) != 0) return NO;
+                int bodies = setAt(at);
+                if (!Instances.isSingle(bodies) && !doesSuppose) return OPEN;
+                at = baseAt(at, supposedOf(bodies), Types.CHAIN + step);
+                if (at == NONE) return NO;
+            }
+            int head = types.tokens[at];
+            return Types.isClass(head) && hierarchy.leads(head - Types.CLASS, classes, STEPS) ? YES : NO;
+        }
+
+        /**
+         * The steps from a type to a base, 0 to itself; NONE if it is no base, SEVERAL if there are several parts. For that
+         * something is supposed.
+         */
+        int steps(int type, int target) {
+            int at = type;
+            int aim = types.tokens[target];
+            for (int step = 0; step <= STEPS && at != NONE; step++) {
+                if (types.isSame(at, target)) return step;
+                int head = types.tokens[at];
+                if (Types.isClass(head)) return classSteps(head, aim, step);
+                if (!Types.isInstance(head) || step == STEPS) return NONE;
+                boolean mayLead = !Types.isClass(aim)
+                        || (templates.led(Types.templateOf(head), step) >> aim - Types.CLASS & 1) == 1;
+                if (!mayLead) return NONE;
+                at = baseAt(at, supposedOf(setAt(at)), Types.CHAIN + step);
+            }
+            return NONE;
+        }
+
+        /** The same as steps, from a class that was come to by some steps. */
+        private int classSteps(int head, int target, int step) {
+            if (!Types.isClass(target)) return NONE;
+            int cls = head - Types.CLASS;
+            int base = target - Types.CLASS;
+            int steps = hierarchy.steps(cls, base);
+            if (steps == NONE || hierarchy.leads(cls, 1 << base, step)) return steps == NONE ? NONE : step + steps;
+            return step == 0 ? SEVERAL : NONE;
+        }
+
+        /** Whether the constraints of a set hold for what is matched; for that something is supposed. */
+        boolean areMet(int frame, int constraints) {
+            if (fits(frame, constraints) == NO) return false;
+            for (int i = 0; i < PARAMETERS; i++) {
+                int classes = templates.wanted(constraints, i);
+                int place = types.bound[frame * PARAMETERS + i];
+                if (classes != 0 && leads(place, classes) != YES) return false;
+            }
+            return true;
+        }
+
+        /** The bodies that an instance at a place can have, for what is known. */
+        int setAt(int place) {
+            int template = Types.templateOf(types.tokens[place]);
+            int sure = 0;
+            int maybe = 0;
+            for (int i = 0; i < templates.specialisations(template); i++) {
+                int second = templates.pattern(template, i, 1);
+                types.empty(Types.PART);
+                if (!types.matches(Types.PART, templates.pattern(template, i, 0), second, place + 1)) continue;
+                int fits = fits(Types.PART, Templates.place(template, i));
+                if (fits == YES) sure |= 1 << i;
+                if (fits == OPEN) maybe |= 1 << i;
+            }
+            int all = templates.possible(template, sure, maybe);
+            decider = NONE;
+            map = Instances.SAME;
+            deciding = all;
+            if (Instances.isSingle(all)) return all;
+            types.pack(place);
+            int id = instances.find(types.first, types.second, types.third);
+            if (id == NONE) return all;
+            decider = instances.follow(id);
+            map = instances.map();
+            reasons |= instances.reasons(decider);
+            int known = instances.set(decider);
+            deciding = decider == id && !instances.isSettled(id) ? known & all : known;
+            return Instances.image(map, deciding);
+        }
+
+        /** The body of the instance whose bodies were asked for last: the only one, or that which is supposed. */
+        int supposedOf(int bodies) {
+            if (Instances.isSingle(bodies)) return Instances.code(bodies);
+            int stop = stopOfDecider();
+            if (stop == NONE) {
+                isOver = true;
+                return Instances.UNSURE;
+            }
+            int row = stop * ROW;
+            if (rows[row + SUPPOSED] == NONE) {
+                rows[row + SET] = deciding;
+                rows[row + SUPPOSED] = Instances.code(deciding);
+                supposals[supposed * 2] = stop;
+                supposals[supposed * 2 + 1] = deciding & deciding - 1;
+                supposed++;
+            }
+            return Instances.mapped(map, rows[row + SUPPOSED]);
+        }
+
+        private int stopOfDecider() {
+            boolean isKept = decider != NONE;
+            long one = isKept ? instances.word(decider, 0) : types.first;
+            long two = isKept ? instances.word(decider, 1) : types.second;
+            long three = isKept ? instances.word(decider, 2) : types.third;
+            for (int i = 0; i < stops; i++) {
+                int at = i * WORDS;
+                if (words[at] == one && words[at + 1] == two && words[at + 2] == three) return i;
+            }
+            if (stops == MOST) return NONE;
+            words[stops * WORDS] = one;
+            words[stops * WORDS + 1] = two;
+            words[stops * WORDS + 2] = three;
+            rows[stops * ROW] = decider;
+            rows[stops * ROW + SET] = deciding;
+            rows[stops * ROW + SUPPOSED] = NONE;
+            return stops++;
+        }
+
+        /** The base of an instance with a body, written into a row; NONE if it has none. */
+        int baseAt(int place, int body, int row) {
+            int template = Types.templateOf(types.tokens[place]);
+            boolean isItself = body == Instances.ITSELF;
+            int told = body == Instances.UNSURE ? NONE : templates.base(template, isItself ? Templates.ITSELF : body);
+            if (told == NONE) return NONE;
+            types.empty(Types.OF_BASE);
+            if (isItself) {
+                boolean isTwofold = types.tokens[place] >= Types.TWOFOLD;
+                types.bound[Types.OF_BASE * PARAMETERS] = place + 1;
+                types.bound[Types.OF_BASE * PARAMETERS + 1] = isTwofold ? types.ends[place + 1] : NONE;
+            } else {
+                int second = templates.pattern(template, body, 1);
+                int pattern = templates.pattern(template, body, 0);
+                if (!types.matches(Types.OF_BASE, pattern, second, place + 1)) return NONE;
+            }
+            return types.builds(Types.OF_BASE, told, row) ? row * Types.WIDTH : NONE;
+        }
+
+        /** What is asked of an instance, or of two types, for what is supposed; a base by what tells it apart. */
+        long answer(int kind, int place, int other) {
+            if (kind == DISTANCE) return steps(place, other);
+            int body = supposedOf(setAt(place));
+            if (kind == BODY) return body;
+            int base = baseAt(place, body, Types.OTHER);
+            if (base == NONE) return NOTHING;
+            types.pack(base);
+            return Instances.mixed(types.first, types.second, types.third) >>> 1;
+        }
+    }
+
+    /**
+     * Finds the bodies of instances. It goes from one to those on which its body depends, and finds these first; those that
+     * ask for one another are told apart as they are left, and given to Ways. As it may be very far to what decides, it goes
+     * only so far at a level: on from the first one that is open, then near by, then on from the last one.
+     */
+    private static final class Descent {
+        static final int LEVELS = 6;
+        private static final int LOOKS = 1 << 8;
+        private static final int FARTHER = 3;
+
+        /** What is done next; the first ones begin with a look. */
+        private static final int DESCEND = 0;
+        private static final int RUN_ON = 1;
+        private static final int GATHER = 2;
+        private static final int TRY = 3;
+        private static final int GO_ON = 4;
+        private static final int END_WALK = 5;
+        private static final int GATHER_ON = 6;
+        private static final int END_GATHERING = 7;
+        private static final int END_TRY = 8;
+        private static final int DONE = 9;
+
+        /** What is done at a level, one after another. */
+        private static final int FORWARD = 0;
+        private static final int NEAR = 1;
+        private static final int WITHIN = 2;
+        private static final int ALL = 3;
+        private static final int NARROW = 4;
+        private static final int WIDE = 5;
+        private static final int BACKWARD = 6;
+        private static final int WIDEST = 7;
+        private static final int WIDER = 8;
+        private static final int FIRST = 9;
+        private static final int ALONE = 10;
+        private static final int FIRST_ALONE = 11;
+
+        /** Where there are more instances than these, only some of a long line of them are kept. */
+        private static final int DENSE = Instances.MOST / 4;
+        private static final int RUN = 64;
+        private static final int MOST_NEAR = 1 << 17;
+        private static final int FEW = 1 << 6;
+        private static final int MORE = 5;
+        private static final int MOST = 1 << 28;
+
+        private final Types types;
+        private final Instances instances;
+        private final Look look;
+        private final Ways ways;
+        private int phase;
+        private int plan;
+        private int goal;
+        private int level;
+        private int limit;
+        /** The walk that goes on, and the one that gathered those within which it is to stay. */
+        private int walk;
+        private int gathering;
+        private int time;
+        /** From the first place on, those from whom it goes on, or those gathered; from the last one, those left in circles. */
+        private int[] path = new int[FEW];
+        private int height;
+        private int stacked;
+        private int gathered;
+        private int seen;
+        /** Whether something was left out. */
+        private boolean isCut;
+        /** How many in a line were not kept, and what follows for the last one that was kept. */
+        private int run;
+        private int runMap;
+
+        Descent(Types types, Instances instances, Look look) {
+            this.types = types;
+            this.instances = instances;
+            this.look = look;
+            ways = new Ways(types, instances, look);
+        }
+
+        int looks() {
+            return look.looks();
+        }
+
+        /** Finds the body of an instance if a level is enough for that, and tells whether it is. */
+        boolean finds(long one, long two, long three, int level) {
+            if (instances.isCrowded() || walk > Instances.MOST_WALKS - FEW) {
+                instances.forget();
+                walk = 0;
+            }
+            goal = instances.find(one, two, three);
+            if (goal == NONE) goal = instances.put(one, two, three, Instances.ALL);
+            this.level = level;
+            startWalk(FORWARD);
+            for (int i = 0; i < MOST && phase != DONE; i++) {
+                if (phase < TRY || phase == TRY && ways.aims()) look.look();
+                switch (phase) {
+                    case DESCEND: descend(); break;
+                    case RUN_ON: runOn(path[height - 1]); break;
+                    case GATHER: gather(); break;
+                    case TRY: if (ways.isDone()) phase = END_TRY; else ways.goOn(); break;
+                    case GO_ON: goOn(); break;
+                    case END_WALK: endWalk(); break;
+                    case GATHER_ON: gatherOn(); break;
+                    case END_GATHERING: endGathering(); break;
+                    default: endTry();
+                }
+            }
+            return isFound();
+        }
+
+        /** Lets an instance whose body could not be found have the one that it has if what is open does not hold. */
+        void settleAtLeast(long one, long two, long three) {
+            int id = instances.find(one, two, three);
+            if (id == NONE) id = instances.put(one, two, three, Instances.ALL);
+            if (id == NONE) return;
+            look.aim(one, two, three, id);
+            look.look();
+            int bodies = instances.whole(id) & look.set();
+            int least = look.leastBody();
+            if (bodies == 0 || (bodies & least) != 0) bodies = least;
+            instances.settle(id, 1 << Instances.code(bodies));
+        }
+
+        private boolean isFound() {
+            return Instances.isSingle(instances.whole(goal));
+        }
+
+        private int looksFrom(int least) {
+            return look.looks() + Math.max(least, LOOKS << level * FARTHER);
+        }
+
+        // ---- walks
+
+        private void startWalk(int next) {
+            plan = next;
+            phase = GO_ON;
+            walk++;
+            time = 1;
+            height = 0;
+            stacked = 0;
+            isCut = false;
+            limit = looksFrom(0);
+        }
+
+        /** Aims at the last one of the path, or finds what else is to be done. */
+        private void goOn() {
+            if (height == 0) {
+                int first = instances.follow(goal);
+                boolean isNew = !isFound() && instances.walk(first) != walk;
+                if (isNew && mayEnter(first)) enter(first);
+            }
+            phase = height > 0 ? DESCEND : END_WALK;
+            if (height > 0) look.aimAt(path[height - 1]);
+        }
+
+        private void endWalk() {
+            if (isFound() || plan == BACKWARD) phase = DONE;
+            else if (plan == FORWARD && isCut) startGathering(NEAR);
+            else startGathering(ALL);
+        }
+
+        private boolean mayEnter(int id) {
+            boolean isNear = plan != WITHIN || id != NONE && instances.walk(id) == gathering;
+            boolean hasRoom = id != NONE || instances.count() < Instances.MOST;
+            boolean may = isNear && hasRoom && look.looks() < limit;
+            if (!may) isCut = true;
+            return may;
+        }
+
+        private void enter(int id) {
+            makeRoom(height + stacked + 1);
+            instances.come(id, walk, time++, stacked);
+            path[height++] = id;
+        }
+
+        private void makeRoom(int least) {
+            if (least <= path.length) return;
+            int[] longer = Arrays.copyOf(path, path.length << MORE);
+            for (int i = 0; i < stacked; i++) {
+                longer[longer.length - 1 - i] = path[path.length - 1 - i];
+            }
+            path = longer;
+        }
+
+        private int stackedAt(int at) {
+            return path[path.length - 1 - at];
+        }
+
+        /** Goes on with what a look at the last one of the path has told. */
+        private void descend() {
+            int top = path[height - 1];
+            int set = instances.set(top) & look.set();
+            phase = GO_ON;
+            if (set == 0) {
+                leaveWithout(top);
+                return;
+            }
+            instances.putSet(top, set);
+            if (look.isStrict()) instances.restrict(top);
+            int map = Instances.isSingle(set) ? NONE : look.mapFromOther();
+            if (Instances.isSingle(set)) leave(top);
+            else if (map == NONE || !goesAlong(top, map)) goFrom(top);
+        }
+
+        /** Leaves the last one of the path. Those in circles with it can be come to again, as more is known then. */
+        private void leave(int top) {
+            height--;
+            while (stacked > instances.place(top)) {
+                stacked--;
+                release(stackedAt(stacked));
+            }
+        }
+
+        /** Lets an instance be come to again. */
+        private void release(int id) {
+            instances.come(id, plan == WITHIN ? gathering : 0, 0, 0);
+        }
+
+        /** There is no body that goes for an instance: it is not sure, or that which was asked for if this depends on it. */
+        private void leaveWithout(int top) {
+            boolean isGoal = instances.follow(goal) == top;
+            instances.settle(isGoal ? goal : top, 1 << Instances.UNSURE);
+            if (isGoal) phase = DONE;
+            else leave(top);
+        }
+
+        /** Binds an instance to the only one on which its body depends, or begins to run on from this. */
+        private boolean goesAlong(int top, int map) {
+            int other = look.stopId(1);
+            if (other == NONE && plan == WITHIN) return false;
+            if (other == NONE && instances.count() > DENSE) {
+                run = 1;
+                runMap = map;
+                look.aimAtStop(1);
+                phase = RUN_ON;
+                return true;
+            }
+            if (other == NONE) other = putStop(1);
+            if (other == NONE) return false;
+            goAlong(top, other, map);
+            return true;
+        }
+
+        private int putStop(int at) {
+            int id = look.stopId(at);
+            if (id != NONE) return id;
+            int set = at == 0 ? Instances.ALL : look.stopSet(at);
+            return instances.put(look.stopWord(at, 0), look.stopWord(at, 1), look.stopWord(at, 2), set);
+        }
+
+        private void goAlong(int top, int other, int map) {
+            leave(top);
+            bind(top, other, map);
+            if (instances.walk(other) != walk && mayEnter(other)) enter(other);
+        }
+
+        private void bind(int id, int other, int map) {
+            int set = instances.set(other) & Instances.origin(map, instances.set(id));
+            if (set != 0) instances.putSet(other, set);
+            instances.bind(id, other, map);
+        }
+
+        /** Goes on along a line of instances, each of which depends on the next one alone. */
+        private void runOn(int top) {
+            int map = Instances.isSingle(look.set()) ? NONE : look.mapFromOther();
+            int next = NONE;
+            int bodies = 0;
+            if (map != NONE) {
+                runMap = Instances.chained(runMap, map);
+                next = look.stopId(1);
+                bodies = Instances.image(runMap, look.stopSet(1));
+            } else if (Instances.isSingle(look.set())) {
+                bodies = Instances.image(runMap, look.set());
+            }
+            if (next == top) bodies = sameIn(runMap);
+            boolean isEnd = next == top || bodies != 0 && Instances.isSingle(bodies);
+            if (!isEnd && map != NONE && next == NONE && run < RUN && look.looks() < limit) {
+                run++;
+                look.aimAtStop(1);
+                return;
+            }
+            phase = GO_ON;
+            if (isEnd) endRun(top, bodies);
+            else goFromRun(top, putStop(map == NONE ? 0 : 1));
+        }
+
+        private void endRun(int top, int bodies) {
+            int set = instances.set(top) & bodies;
+            if (set == 0) {
+                leaveWithout(top);
+                return;
+            }
+            instances.putSet(top, set);
+            leave(top);
+            if (!Instances.isSingle(set)) instances.leave(top);
+        }
+
+        private void goFromRun(int top, int next) {
+            if (next != NONE) {
+                goAlong(top, next, runMap);
+            } else {
+                isCut = true;
+                leave(top);
+                instances.leave(top);
+            }
+        }
+
+        /** The bodies for which a map tells the same one. */
+        private static int sameIn(int map) {
+            int all = 0;
+            for (int i = 0; i < Instances.BODIES; i++) {
+                if (Instances.mapped(map, i) == i) all |= 1 << i;
+            }
+            return all;
+        }
+
+        /** Goes from an instance to the next one on which it depends; if there is none, leaves it. */
+        private void goFrom(int top) {
+            if (look.isOver()) isCut = true;
+            int next = NONE;
+            int least = instances.time(top);
+            for (int i = 1; i < look.stops(); i++) {
+                int at = plan == BACKWARD ? look.stops() - i : i;
+                int id = look.stopId(at);
+                boolean isNew = id == NONE || instances.walk(id) != walk;
+                if (isNew && next == NONE && mayEnter(id)) next = at;
+                if (!isNew && !instances.isLeft(id)) least = Math.min(least, instances.time(id));
+            }
+            if (least < instances.time(top)) instances.lower(top, least);
+            int id = next == NONE ? NONE : putStop(next);
+            if (id != NONE) enter(id);
+            else leaveOpen(top);
+        }
+
+        /** Leaves an instance whose body is not found. All with which it is in a circle are tried together. */
+        private void leaveOpen(int top) {
+            height--;
+            if (instances.isLowered(top)) {
+                path[path.length - 1 - stacked] = top;
+                stacked++;
+                return;
+            }
+            int end = stacked;
+            while (stacked > 0 && instances.time(stackedAt(stacked - 1)) >= instances.time(top)) {
+                stacked--;
+            }
+            instances.leave(top);
+            instances.clearMembers();
+            boolean doFit = end > stacked;
+            for (int i = stacked; i < end; i++) {
+                instances.leave(stackedAt(i));
+                doFit = doFit && instances.takes(stackedAt(i));
+            }
+            if (!doFit || !instances.takes(top)) return;
+            phase = TRY;
+            ways.begin(top, false, looksFrom(instances.members() * 2));
+        }
+
+        // ---- gathering
+
+        private void startGathering(int next) {
+            plan = next;
+            phase = GATHER_ON;
+            gathering = ++walk;
+            gathered = 0;
+            seen = 0;
+            stacked = 0;
+            isCut = false;
+            limit = looksFrom(0);
+            add(instances.follow(goal));
+            for (int i = 0; i < types.numbered() && next == WIDEST; i++) {
+                int id = idOfNumbered(i);
+                if (id != NONE) add(instances.follow(id));
+            }
+            for (int i = 0; i < instances.count() && next != NEAR; i++) {
+                if (instances.isStrict(i)) add(i);
+            }
+        }
+
+        /** An instance that has a number, NONE for other types. */
+        private int idOfNumbered(int number) {
+            if (!Types.isInstance(types.head(number)) || types.isOpen(number)) return NONE;
+            types.pack(number * Types.WIDTH);
+            int id = instances.find(types.first, types.second, types.third);
+            return id != NONE ? id : instances.put(types.first, types.second, types.third, Instances.ALL);
+        }
+
+        private void add(int id) {
+            if (id == NONE || gathered >= (plan == NEAR ? MOST_NEAR : Instances.MOST_MEMBERS)) {
+                isCut = true;
+                return;
+            }
+            if (instances.walk(id) == gathering) return;
+            instances.come(id, gathering, 0, 0);
+            makeRoom(gathered + 1);
+            path[gathered++] = id;
+        }
+
+        private void gatherOn() {
+            while (seen < gathered && isDecided(path[seen])) {
+                seen++;
+            }
+            if (seen < gathered && look.looks() >= limit) isCut = true;
+            phase = seen < gathered && look.looks() < limit ? GATHER : END_GATHERING;
+            if (phase == GATHER) look.aimAt(path[seen]);
+        }
+
+        private boolean isDecided(int id) {
+            if (instances.isBound(id) || instances.isSettled(id)) return true;
+            return Instances.isSingle(instances.set(id)) && (plan == NEAR || !instances.isStrict(id));
+        }
+
+        private void gather() {
+            int id = path[seen++];
+            int set = instances.set(id) & look.set();
+            boolean isGoal = set == 0 && instances.follow(goal) == id;
+            if (set == 0) instances.settle(isGoal ? goal : id, 1 << Instances.UNSURE);
+            else instances.putSet(id, set);
+            if (set != 0 && look.isStrict()) instances.restrict(id);
+            phase = isGoal ? DONE : GATHER_ON;
+            int map = Instances.isSingle(set) ? NONE : look.mapFromOther();
+            if (look.isOver()) isCut = true;
+            for (int i = 1; i < look.stops() && !isDecided(id); i++) {
+                int other = putStop(i);
+                if (other != NONE && map != NONE) bind(id, other, map);
+                add(other);
+            }
+        }
+
+        private void endGathering() {
+            if (isFound()) {
+                phase = DONE;
+            } else if (plan == NEAR) {
+                startWalk(WITHIN);
+            } else {
+                takeMembers();
+                if (plan == ALL) startTry(NARROW);
+                else if (plan == WIDEST) startTry(WIDER);
+                else startTry(FIRST_ALONE);
+            }
+        }
+
+        /** Takes all that were gathered and are not decided, those that are near last. */
+        private void takeMembers() {
+            instances.clearMembers();
+            for (int i = gathered - 1; i >= 0; i--) {
+                if (!isDecided(path[i]) && !instances.takes(path[i])) isCut = true;
+            }
+        }
+
+        // ---- trying
+
+        private void startTry(int next) {
+            plan = next;
+            phase = TRY;
+            int last = looksFrom(instances.members() * 2);
+            if (next == FIRST || next == FIRST_ALONE) ways.beginFirst(goal, last);
+            else ways.begin(goal, next != NARROW, last);
+        }
+
+        private void endTry() {
+            int found = ways.found();
+            if (plan <= WITHIN || plan == BACKWARD) {
+                endCircle(found);
+            } else if (found == Ways.ONE) {
+                if (plan == FIRST || plan == FIRST_ALONE) instances.settle(goal, ways.survivors());
+                phase = DONE;
+            } else if (found == Ways.UNKNOWN) {
+                endWithout();
+            } else if (plan == NARROW && found == Ways.NO_WAY) {
+                instances.settle(goal, 1 << Instances.UNSURE);
+                phase = DONE;
+            } else if (plan == NARROW) {
+                startTry(WIDE);
+            } else if (isCut && plan == WIDE) {
+                startWalk(BACKWARD);
+            } else if (plan == WIDE) {
+                startGathering(WIDEST);
+            } else if (plan == WIDER) {
+                startTry(FIRST);
+            } else if (plan == FIRST) {
+                startGathering(ALONE);
+            } else {
+                instances.settle(goal, first(instances.whole(goal)));
+                phase = DONE;
+            }
+        }
+
+        private void endWithout() {
+            if (plan == FIRST || plan == WIDER) startGathering(ALONE);
+            else if (plan == NARROW || plan == WIDE) startWalk(BACKWARD);
+            else phase = DONE;
+        }
+
+        /** The body that is taken first where the document is silent, as a set. */
+        static int first(int set) {
+            return (set >> Instances.ITSELF & 1) == 1 ? 1 << Instances.ITSELF : set & -set;
+        }
+
+        /** Goes on when all those in a circle were tried. */
+        private void endCircle(int found) {
+            int last = instances.member(instances.members() - 1);
+            if (found == Ways.UNKNOWN) isCut = true;
+            for (int i = 0; i < instances.members() && (found == Ways.ONE || found == Ways.NO_WAY); i++) {
+                release(instances.member(i));
+            }
+            boolean isGoal = found == Ways.NO_WAY && instances.follow(goal) == last;
+            if (found == Ways.NO_WAY) instances.settle(isGoal ? goal : last, 1 << Instances.UNSURE);
+            instances.clearMembers();
+            phase = isGoal ? DONE : GO_ON;
+        }
+    }
+
+    /**
+     * Tries ways to choose the bodies of the members, which ask for one another. A body is guessed for one of them, and what
+     * follows must go with the guesses. Where just one body of the goal goes with the document, it is this one; the
+     * document is silent about several ways, and about none.
+     */
+    private static final class Ways {
+        /** What was found. */
+        static final int UNKNOWN = 0;
+        static final int NO_WAY = 1;
+        static final int ONE = 2;
+        static final int MORE_THAN_ONE = 3;
+
+        /** What is done next; the first two begin with a look. */
+        private static final int SPREAD = 0;
+        private static final int JUDGE = 1;
+        private static final int NEXT = 2;
+        private static final int GUESS = 3;
+        private static final int CLASH = 4;
+        private static final int DONE = 5;
+
+        /** The row of a member: the first of those who depend on it, who is queued there, and what is noted of it. */
+        private static final int EDGE = 0;
+        private static final int QUEUED = 1;
+        private static final int NOTED = 2;
+        private static final int MEMBER = 3;
+        private static final int IS_QUEUED = 1;
+        private static final int WAS_SEEN = 2;
+
+        /**
+         * A guess: for whom, the bodies that are left to try, how many there were on the trail ahead of it, how many guesses
+         * there were when it was seen to go with what follows from it, 0 if it was not; the earlier guesses with which the
+         * bodies that were tried do not go; the body that is tried.
+         */
+        private static final int GUESSED = 0;
+        private static final int UNTRIED = 1;
+        private static final int AHEAD = 2;
+        private static final int SEEN = 3;
+        private static final int CONFLICT = 4;
+        private static final int TRIED = 5;
+        private static final int ROW = 6;
+        private static final int MOST = 1 << 12;
+        /** The guesses behind the others share the last bit. */
+        private static final int LAST_BIT = 62;
+
+        private static final int MOST_EDGES = 1 << 17;
+        private static final int MOST_TRAILED = 1 << 16;
+        private static final int FEW = 1 << 6;
+        private static final int MORE = 4;
+
+        private final Types types;
+        private final Instances instances;
+        private final Look look;
+        private int phase;
+        private int found;
+        private int goal;
+        private int limit;
+        private boolean isWide;
+        private boolean isFirst;
+        /** The bodies of the goal that are left to test, that which is tested, and those that go. */
+        private int untested;
+        private int tested;
+        private int survivors;
+        private int[] members = new int[0];
+        private int queueStart;
+        private int queued;
+        /** Who depends on a member, and the next one who does. */
+        private int[] edges = new int[0];
+        private int edgeCount;
+        private long[] guesses = new long[0];
+        private int guessed;
+        /** The instances that were narrowed with their bodies ahead of that, and the guesses on which these depended. */
+        private long[] trail = new long[0];
+        private int trailed;
+        private long conflict;
+        /** The place of the member, or the guess, that is looked at. */
+        private int one;
+
+        Ways(Types types, Instances instances, Look look) {
+            this.types = types;
+            this.instances = instances;
+            this.look = look;
+        }
+
+        int found() {
+            return found;
+        }
+
+        int survivors() {
+            return survivors;
+        }
+
+        boolean isDone() {
+            return phase == DONE;
+        }
+
+        /** Begins to find which bodies of the goal go; in a wide way all members must have a body. */
+        void begin(int goal, boolean isWide, int limit) {
+            this.goal = goal;
+            this.isWide = isWide;
+            this.limit = limit;
+            isFirst = false;
+            untested = instances.whole(goal);
+            tested = 0;
+            survivors = 0;
+            guessed = 0;
+            trailed = 0;
+            edgeCount = 0;
+            queueStart = 0;
+            queued = 0;
+            int count = instances.members();
+            if (members.length < count * MEMBER) {
+                members = new int[Math.min(Instances.MOST_MEMBERS, Math.max(FEW, count << MORE)) * MEMBER];
+            }
+            for (int i = 0; i < count; i++) {
+                members[i * MEMBER + EDGE] = NONE;
+                members[i * MEMBER + NOTED] = 0;
+                enqueue(i);
+            }
+            phase = SPREAD;
+        }
+
+        /** Begins to find the first way, in which those that have numbers come first, so that all calls find the same one. */
+        void beginFirst(int goal, int limit) {
+            begin(goal, true, limit);
+            isFirst = true;
+        }
+
+        /** Aims at the one that must be looked at next, and tells whether there is one. */
+        boolean aims() {
+            one = NONE;
+            if (phase == SPREAD && queued > 0) {
+                one = members[queueStart * MEMBER + QUEUED];
+                queueStart = queueStart + 1 == instances.members() ? 0 : queueStart + 1;
+                queued--;
+                members[one * MEMBER + NOTED] &= ~IS_QUEUED;
+                look.aimAt(instances.member(one));
+            }
+            for (int i = 0; i < guessed && phase == JUDGE && one == NONE; i++) {
+                if (guesses[i * ROW + SEEN] == 0) one = i;
+            }
+            if (phase == JUDGE && one != NONE) look.aimAt(instances.follow((int) guesses[one * ROW + GUESSED]));
+            return one != NONE;
+        }
+
+        /** Goes on with what the look has told, if there was one. */
+        void goOn() {
+            boolean isOut = look.looks() > limit || guessed == MOST || trailed + 1 >= MOST_TRAILED;
+            if (isOut) {
+                end(UNKNOWN);
+                return;
+            }
+            switch (phase) {
+                case SPREAD:
+                    if (one != NONE) take();
+                    else phase = guessed == 0 ? NEXT : JUDGE;
+                    break;
+                case JUDGE:
+                    if (one != NONE) judge();
+                    else choose();
+                    break;
+                case NEXT: next(); break;
+                case GUESS: tryNext(); break;
+                default: goBack();
+            }
+        }
+
+        private void end(int what) {
+            if (what == NO_WAY) undo(0);
+            else if (guessed > 0) undo((int) guesses[AHEAD]);
+            found = what;
+            phase = DONE;
+        }
+
+        /** Finds which body of the goal is tested next. */
+        private void next() {
+            int left = instances.whole(goal);
+            untested &= left;
+            if (isFirst) {
+                phase = JUDGE;
+            } else if (untested == 0 || Integer.bitCount(survivors) > 1) {
+                int count = Integer.bitCount(survivors);
+                end(count == 0 ? NO_WAY : count == 1 ? ONE : MORE_THAN_ONE);
+                if (count == 1) keep();
+            } else {
+                tested = Descent.first(untested);
+                untested &= ~tested;
+                put(goal, tested);
+            }
+        }
+
+        /** Lets the goal have the only body that goes. */
+        private void keep() {
+            int decider = instances.follow(goal);
+            instances.putSet(decider, instances.set(decider) & Instances.origin(instances.map(), survivors));
+        }
+
+        /** Puts a guess for an instance, to try some bodies. */
+        private void put(int id, int set) {
+            if (!instances.isMember(instances.follow(id))) {
+                end(UNKNOWN);
+                return;
+            }
+            if ((guessed + 1) * ROW > guesses.length) {
+                guesses = Arrays.copyOf(guesses, Math.max(FEW * ROW, guesses.length << MORE));
+            }
+            int at = guessed * ROW;
+            guesses[at + GUESSED] = id;
+            guesses[at + UNTRIED] = set;
+            guesses[at + AHEAD] = trailed;
+            guesses[at + SEEN] = 0;
+            guesses[at + CONFLICT] = instances.reasons(instances.follow(id));
+            guessed++;
+            phase = GUESS;
+        }
+
+        private static long bit(int guess) {
             return 1L << Math.min(guess, LAST_BIT);
         }
 
-        long all() {
-            return count > LAST_BIT ? Long.MAX_VALUE : (1L << count) - 1;
+        private void tryNext() {
+            int at = (guessed - 1) * ROW;
+            int body = Descent.first((int) guesses[at + UNTRIED]);
+            guesses[at + UNTRIED] &= ~body;
+            guesses[at + TRIED] = body;
+            guesses[at + SEEN] = 0;
+            int decider = instances.follow((int) guesses[at + GUESSED]);
+            int set = instances.set(decider) & Instances.origin(instances.map(), body);
+            long reasons = Instances.isSingle(set) ? 0 : instances.reasons(decider);
+            narrow(decider, set, reasons | bit(guessed - 1));
+            phase = SPREAD;
         }
 
-        /** Puts a guess for an instance, to try some bodies; all others don't go with some earlier guesses. */
-        void put(int type, int set, long reasons) {
-            if ((count + 1) * ROW > rows.length) rows = Arrays.copyOf(rows, Math.max(FEW * ROW, rows.length << MORE));
-            rows[count * ROW + GUESSED] = type;
-            rows[count * ROW + UNTRIED] = set;
-            rows[count * ROW + AHEAD] = trailed;
-            rows[count * ROW + CONFLICT] = reasons;
-            count++;
-        }
-
-        /** The next body to try for the last guess, that of the template itself first, no sure body last. */
-        int next() {
-            int row = (count - 1) * ROW;
-            int left = (int) rows[row + UNTRIED];
-            int body = (left & Bodies.ITSELF_BIT) != 0 ? Bodies.ITSELF_BIT : left & -left;
-            rows[row + UNTRIED] = left & ~body;
-            // Where there is no way to choose the body of an instance, each one goes.
-            rows[row + SEEN] = bodies.isFree(type(count - 1)) ? 1 : 0;
-            return body;
-        }
-
-        /** Notes that the body of an instance depends on some guesses, and which ones it could have ahead of that. */
-        void putOnTrail(int type, int before, long reasons) {
-            table.setReasons(type, reasons);
-            if (trailed == trail.length) trail = Arrays.copyOf(trail, Math.max(FEW, trailed << MORE));
-            trail[trailed] = before << SET_AT | type;
+        /** Lets a member have fewer bodies, for some guesses, and queues those who depend on it. */
+        private void narrow(int id, int set, long reasons) {
+            if ((trailed + 1) * 2 > trail.length) trail = Arrays.copyOf(trail, Math.max(FEW * 2, trail.length << MORE));
+            trail[trailed * 2] = (long) id << Instances.BODIES | instances.set(id);
+            trail[trailed * 2 + 1] = instances.reasons(id);
             trailed++;
-        }
-
-        void clash(long reasons) {
-            conflict = reasons;
-            without = NONE;
-        }
-
-        boolean doClash() {
-            return conflict != 0;
-        }
-
-        /** Takes back the last guess on which the clash depends, and those behind it. Tells whether there is a body to try. */
-        boolean goBack() {
-            boolean isHigh = count > LAST_BIT && conflict >> LAST_BIT != 0;
-            int at = isHigh ? count - 1 : LAST_BIT + 1 - Long.numberOfLeadingZeros(conflict);
-            int row = at * ROW;
-            undo((int) rows[row + AHEAD]);
-            for (int i = 0; i < at; i++) {
-                if (rows[i * ROW + SEEN] > at) rows[i * ROW + SEEN] = 0;
+            instances.putSet(id, set);
+            instances.putReasons(id, reasons);
+            int place = instances.place(id);
+            enqueue(place);
+            int edge = members[place * MEMBER + EDGE];
+            for (int i = 0; i < edgeCount && edge != NONE; i++) {
+                enqueue(edges[edge * 2]);
+                edge = edges[edge * 2 + 1];
             }
-            if (at <= LAST_BIT) conflict &= ~bit(at);
-            conflict |= rows[row + CONFLICT];
-            rows[row + CONFLICT] = conflict;
-            boolean hasMore = rows[row + UNTRIED] != 0;
-            if (!hasMore && without == NONE && !bodies.isFree(type(at))) without = type(at);
-            count = hasMore ? at + 1 : at;
-            return hasMore;
         }
 
-        /** Takes all guesses back. */
-        void clear() {
-            undo(0);
-            count = 0;
+        private void enqueue(int place) {
+            if ((members[place * MEMBER + NOTED] & IS_QUEUED) != 0) return;
+            members[place * MEMBER + NOTED] |= IS_QUEUED;
+            int end = queueStart + queued;
+            if (end >= instances.members()) end -= instances.members();
+            members[end * MEMBER + QUEUED] = place;
+            queued++;
         }
 
         private void undo(int left) {
             while (trailed > left) {
                 trailed--;
-                int type = trail[trailed] & PLACES;
-                bodies.forget(type, trail[trailed] >> SET_AT);
-                table.setReasons(type, 0);
+                int id = (int) (trail[trailed * 2] >> Instances.BODIES);
+                instances.putSet(id, (int) trail[trailed * 2] & Instances.ALL);
+                instances.putReasons(id, trail[trailed * 2 + 1]);
             }
         }
 
-        /** Lets all bodies that depend on the guesses be known. */
-        void keep() {
-            for (int i = 0; i < trailed; i++) {
-                table.setReasons(trail[i] & PLACES, 0);
-            }
-            trailed = 0;
-            count = 0;
-        }
-    }
-
-    /**
-     * Finds the bodies of instances, of each one behind those that matter for it. Where instances ask for one another in
-     * a circle, a body is guessed for one of them, which must go with what follows from it. Where just one way goes with
-     * the document, it is this one. The document is silent about several ways, and about none.
-     */
-    private static final class Search {
-        /** What is to be done next. */
-        private static final int BEGIN = 0;
-        private static final int JUDGE = 1;
-        private static final int DERIVE = 2;
-        private static final int LIKEN = 3;
-        private static final int TELL = 4;
-        private static final int KNOW = 5;
-        private static final int CHECK = 6;
-        private static final int CIRCLE = 7;
-        private static final int GUESS = 8;
-        private static final int TRY = 9;
-        private static final int CLASH = 10;
-        private static final int WAY = 11;
-        private static final int NO_OTHER = 12;
-        private static final int GATHER = 13;
-        private static final int OUT = 14;
-        private static final int ANSWER = 15;
-        private static final int DONE = 16;
-
-        /**
-         * What is looked for: what follows without guesses; a way to choose bodies; the only way once more; a way for all
-         * instances on which the goal may depend, and for all types that have a number.
-         */
-        private static final int SURE = 0;
-        private static final int TRIAL = 1;
-        private static final int AGAIN = 2;
-        private static final int WIDE = 3;
-        private static final int WIDEST = 4;
-
-        /** How often instances are looked at: for a call of the face, and at least for what is asked for in it. */
-        static final int LOOKS = 1 << 20;
-        static final int FEW_LOOKS = 1 << 17;
-        static final int LEAST_LOOKS = 1 << 12;
-        private static final int MOST = 1 << 24;
-        /** With more types than these, instances are looked at together with those that are like them. */
-        static final int MANY = 1 << 11;
-        private static final int FEW_ON_PATH = 1 << 10;
-        private static final int MOST_ON_PATH = 1 << 18;
-        private static final int MOST_GATHERED = 1 << 12;
-        private static final int MORE = 4;
-
-        private final TypeTable table;
-        private final Bodies bodies;
-        private final Likeness likeness;
-        private final Guesses guesses;
-        private int phase;
-        private int mode;
-        /** The instance whose body was asked for, and that for which a way is looked for. */
-        private int asked;
-        private int goal;
-        private int limit;
-        private int lastLimit;
-        private int deepLimit;
-        /** Those for which nothing was found in the round that goes on are linked with its number. */
-        private int round;
-        private boolean hasProgress;
-        /** The one at the end of the way from one to those that matter for it, and so on; NONE if there is no such way. */
-        private int top;
-        /** The one that is next; the body that it gets, and the guesses on which this depends. */
-        private int one;
-        private int newBody;
-        private long newReasons;
-        /** The body of the goal in the first way, 0 if there is none; whether there is no other way. */
-        private int found;
-        private boolean isSole;
-        /** The body of the one that was asked for, if there are several ways, or if a circle has none; 0 until then. */
-        private int firstFound;
-        /** The instances that were gathered; behind them the way to a circle. */
-        private int gathered;
-        private int[] path = new int[0];
-
-        Search(TypeTable table, Bodies bodies, Likeness likeness) {
-            this.table = table;
-            this.bodies = bodies;
-            this.likeness = likeness;
-            guesses = new Guesses(table, bodies);
+        /** Takes what follows for a member from what is known or guessed of others. */
+        private void take() {
+            int id = instances.member(one);
+            if ((members[one * MEMBER + NOTED] & WAS_SEEN) == 0) noteOthers();
+            int set = instances.set(id);
+            int next = set & look.set();
+            long reasons = instances.reasons(id) | look.reasons();
+            if (next == 0) clash(reasons);
+            else if (next != set) narrow(id, next, reasons);
         }
 
-        /** To be called when the notes of all types were forgotten; from now on there are so many looks. */
-        void startAnew(int looks) {
-            lastLimit = bodies.looks() + looks;
-            round = 0;
-        }
-
-        /** Whether all looks are used up. */
-        boolean isSpent() {
-            return bodies.looks() >= lastLimit;
-        }
-
-        /** Finds the body of an instance if so many looks are enough, and tells whether they are. */
-        boolean finds(int type, int looks) {
-            limit = bodies.looks() + Math.max(LEAST_LOOKS, Math.min(looks, lastLimit - bodies.looks()));
-            deepLimit = bodies.looks() + (limit - bodies.looks()) / 2;
-            asked = type;
-            firstFound = 0;
-            beginWith(type, SURE);
-            if (bodies.isFree(type)) finish(Bodies.UNSURE_BIT);
-            if (bodies.found(type) != 0) finish(bodies.found(type));
-            for (int i = 0; i < MOST && phase != DONE; i++) {
-                switch (phase) {
-                    case BEGIN: begin(); break;
-                    case JUDGE: judge(); break;
-                    case DERIVE: derive(); break;
-                    case LIKEN: liken(); break;
-                    case TELL: tell(); break;
-                    case KNOW: know(); break;
-                    case CHECK: check(); break;
-                    case CIRCLE: goRound(); break;
-                    case GUESS: guess(); break;
-                    case TRY: tryNext(); break;
-                    case CLASH: goBack(); break;
-                    case WAY: takeWay(); break;
-                    case NO_OTHER: end(); break;
-                    case GATHER: gather(); break;
-                    case OUT: giveUp(); break;
-                    default: answer();
+        /** Notes on whom the member depends. These are never more later, as more is known then. */
+        private void noteOthers() {
+            members[one * MEMBER + NOTED] |= WAS_SEEN;
+            for (int i = 1; i < look.stops() && edgeCount < MOST_EDGES; i++) {
+                int other = look.stopId(i);
+                if (other == NONE || !instances.isMember(other)) continue;
+                if ((edgeCount + 1) * 2 > edges.length) {
+                    edges = Arrays.copyOf(edges, Math.max(FEW * 2, edges.length << MORE));
                 }
+                int at = instances.place(other) * MEMBER + EDGE;
+                edges[edgeCount * 2] = one;
+                edges[edgeCount * 2 + 1] = members[at];
+                members[at] = edgeCount++;
             }
-            return bodies.found(type) != 0;
         }
 
-        /** Lets an instance whose body could not be found have the one that it has if what is open does not hold. */
-        void answerAtLeast(int type) {
-            bodies.look(type);
-            table.makeRoom();
-            bodies.answer(type, bodies.chosenAtLeast());
+        private void clash(long reasons) {
+            conflict = reasons;
+            phase = CLASH;
+            while (queued > 0) {
+                queued--;
+                members[members[queueStart * MEMBER + QUEUED] * MEMBER + NOTED] &= ~IS_QUEUED;
+                queueStart = queueStart + 1 == instances.members() ? 0 : queueStart + 1;
+            }
         }
 
-        private void beginWith(int type, int mode) {
-            goal = type;
-            this.mode = mode;
-            if (mode != AGAIN) found = 0;
-            phase = BEGIN;
-        }
-
-        private void begin() {
-            guesses.clear();
-            if (mode != WIDE) gathered = 0;
-            lookSo(mode == SURE ? Bodies.BY_LIKENESS : Bodies.PLAIN);
-            phase = JUDGE;
-        }
-
-        private void lookSo(int manner) {
-            bodies.putManner(manner);
-            startRound();
-        }
-
-        /** From now on all those can be asked again for which nothing could be found. */
-        private void startRound() {
-            round++;
-            hasProgress = false;
-        }
-
-        private int tried() {
-            return Bodies.TRIED | round & Bodies.TRIED - 1;
-        }
-
-        /** Whether an instance was not come to in this round. */
-        private boolean isNew(int type) {
-            int link = table.note(type, TypeTable.LINK);
-            return link == 0 || link >= Bodies.TRIED && link != tried();
-        }
-
-        private boolean isOut() {
-            int last = bodies.manner() == Bodies.DEEP ? deepLimit : limit;
-            return bodies.looks() >= last || table.isFull() || guesses.isFull();
-        }
-
-        /** Looks at the last guess that was not seen to go with what follows from it, or else at the goal. */
+        /** Looks whether a guess goes with what follows from it; if that is open, guesses for one on whom it depends. */
         private void judge() {
-            int at = guesses.lastUnseen();
-            top = NONE;
-            one = at == NONE ? nextGoal() : guesses.type(at);
-            if (one == NONE || isOut()) {
-                phase = one == NONE ? WAY : bodies.manner() == Bodies.DEEP ? CHECK : OUT;
+            int decider = instances.follow((int) guesses[one * ROW + GUESSED]);
+            int set = instances.set(decider);
+            if ((set & look.set()) == 0) {
+                clash(instances.reasons(decider) | look.reasons());
                 return;
-            }
-            bodies.putMark(tried());
-            int seen = bodies.look(one);
-            int set = at == NONE ? narrowed(one, seen) : seen & bodies.known(one);
-            if (set == 0) {
-                clash(at);
-            } else if (Integer.bitCount(at == NONE ? set : seen) > 1) {
-                goFrom();
-            } else if (at == NONE) {
-                willKnow(one, set, bodies.reasons());
-            } else {
-                guesses.see(at);
-            }
-        }
-
-        private int nextGoal() {
-            for (int i = 0; i < gathered && mode == WIDE; i++) {
-                if (bodies.known(path[i]) == 0) return path[i];
-            }
-            for (int i = 0; i < table.numbered() && mode == WIDEST; i++) {
-                int type = table.place(i);
-                boolean isClosed = TypeTable.isInstance(table.head(type)) && !table.isOpen(type);
-                if (isClosed && bodies.known(type) == 0) return type;
-            }
-            return bodies.known(goal) == 0 ? goal : NONE;
-        }
-
-        /** The bodies that an instance can have, for those that were told by a look; they are kept for a deep look. */
-        private int narrowed(int type, int set) {
-            int before = bodies.set(type);
-            int after = before == 0 || (before & set) == 0 ? set : before & set;
-            boolean isKept = mode == SURE && bodies.manner() == Bodies.DEEP;
-            if (isKept && after != before && Integer.bitCount(after) > 1) {
-                bodies.putSet(type, after);
-                hasProgress = true;
-            }
-            return after;
-        }
-
-        /** Goes from an instance that was looked at to one that matters for it, or finds what else is to be done. */
-        private void goFrom() {
-            int next = nextToAsk();
-            if (next != NONE) {
-                top = next;
-                table.setNote(top, TypeTable.LINK, 1);
-                phase = DERIVE;
-            } else if (phase == JUDGE && hasProgress) {
-                startRound();
-            } else if (phase == JUDGE) {
-                goDeeper();
-            }
-        }
-
-        private void goDeeper() {
-            int manner = bodies.manner();
-            boolean isLast = manner == Bodies.DEEP || manner == Bodies.PLAIN && bodies.looks() >= deepLimit;
-            if (isLast) phase = CHECK;
-            else lookSo(manner == Bodies.PLAIN ? Bodies.DEEP : Bodies.PLAIN);
-        }
-
-        /**
-         * The smallest one that matters in the last look and was not come to in this round; NONE if there is none, or if a
-         * base is to be found first.
-         */
-        private int nextToAsk() {
-            int base = bodies.openBase();
-            if (base != NONE) {
-                one = base;
-                phase = TELL;
-                return NONE;
             }
             int next = NONE;
-            for (int i = 0; i < bodies.open(); i++) {
-                int stop = bodies.openStop(i);
-                if (next == NONE || table.size(stop) < table.size(next)) next = stop;
+            for (int i = 1; i < look.stops() && (look.set() & ~set) != 0 && next == NONE; i++) {
+                int other = look.stopId(i);
+                boolean isOpen = other != NONE && !Instances.isSingle(instances.set(other));
+                if (isOpen && instances.isMember(other)) next = other;
             }
-            return next;
+            if (next == NONE) guesses[one * ROW + SEEN] = guessed;
+            else put(next, instances.set(next));
         }
 
-        /** Finds one of several bases of an instance that would tell more. */
-        private void tell() {
-            table.makeRoom();
-            if (!bodies.tell(one)) deepLimit = 0;
-            phase = top == NONE ? JUDGE : DERIVE;
-        }
-
-        /** Goes from an instance to those that matter for it, and finds the bodies of these first. */
-        private void derive() {
-            bodies.putMark(tried());
-            boolean isCrowded = likeness.isOfUse() && table.count() > MANY;
-            boolean doesLiken = bodies.manner() == Bodies.BY_LIKENESS && isCrowded;
-            for (int i = 0; i < MOST && top != NONE && phase == DERIVE; i++) {
-                boolean isOut = isOut();
-                if (doesLiken && !isOut && table.note(top, TypeTable.NORM) != top + 1) {
-                    phase = LIKEN;
-                    return;
-                }
-                int set = isOut ? 0 : narrowed(top, bodies.look(top));
-                int next = Integer.bitCount(set) > 1 ? nextToAsk() : NONE;
-                int type = top;
-                if (phase == DERIVE && next != NONE) {
-                    goTo(next);
-                } else if (phase == DERIVE) {
-                    leaveTop();
-                    if (Integer.bitCount(set) == 1) willKnow(type, set, bodies.reasons());
-                }
+        /** All guesses go with what follows. In a wide way it guesses on until all members have a body. */
+        private void choose() {
+            int next = isFirst ? nextWithNumber() : NONE;
+            for (int i = instances.members() - 1; i >= 0 && isWide && next == NONE; i--) {
+                if (!Instances.isSingle(instances.set(instances.member(i)))) next = instances.member(i);
             }
-            if (phase == DERIVE) phase = JUDGE;
-        }
-
-        private void goTo(int next) {
-            table.setNote(next, TypeTable.LINK, top + 2);
-            top = next;
-        }
-
-        private void leaveTop() {
-            int below = table.note(top, TypeTable.LINK) - 2;
-            table.setNote(top, TypeTable.LINK, tried());
-            top = below;
-        }
-
-        /**
-         * Where there are many types, goes from an instance to what stands for all that are like it, and gives it the body
-         * of this. If that can't be told, or its body can't be found so, the instance stands for itself.
-         */
-        private void liken() {
-            phase = DERIVE;
-            table.makeRoom();
-            int like = table.note(top, TypeTable.NORM) - 1;
-            int parts = like == NONE ? likeness.parts(top) : 0;
-            boolean isLedKnown = true;
-            for (int i = 0; i < parts && isLedKnown; i++) {
-                isLedKnown = bodies.isLedKnown(likeness.part(i));
-            }
-            if (!isLedKnown && isNew(bodies.stop())) {
-                goTo(bodies.stop());
-                return;
-            }
-            if (like == NONE) like = isLedKnown ? likeness.key(top, true) : top;
-            boolean isKnown = like != top && bodies.known(like) != 0;
-            boolean doesGo = like != top && !isKnown && isNew(like);
-            table.setNote(top, TypeTable.NORM, (isKnown || doesGo ? like : top) + 1);
-            if (doesGo) {
-                goTo(like);
-            } else if (isKnown) {
-                bodies.share(top);
-                hasProgress = true;
-                leaveTop();
+            if (next != NONE) {
+                put(next, instances.whole(next));
+            } else if (isFirst) {
+                survivors = Descent.first(instances.whole(goal));
+                end(ONE);
+            } else {
+                survivors |= tested;
+                undo((int) guesses[AHEAD]);
+                guessed = 0;
+                phase = NEXT;
             }
         }
 
-        /** Lets an instance have a body next, which depends on some guesses, given as bits. */
-        private void willKnow(int type, int body, long reasons) {
-            one = type;
-            newBody = body;
-            newReasons = reasons;
-            phase = KNOW;
-        }
-
-        private void know() {
-            int before = bodies.set(one);
-            table.makeRoom();
-            bodies.know(one, newBody);
-            hasProgress = true;
-            phase = top == NONE ? JUDGE : DERIVE;
-            if (newReasons != 0) guesses.putOnTrail(one, before, newReasons);
-        }
-
-        /** Looks whether all guesses go with what is known by now. */
-        private void check() {
-            lookSo(Bodies.PLAIN);
-            bodies.putMark(0);
-            phase = CIRCLE;
-            for (int i = 0; i < guesses.count() && phase == CIRCLE; i++) {
-                int type = guesses.type(i);
-                boolean doesGo = guesses.isSeen(i) || (bodies.look(type) & bodies.known(type)) != 0;
-                if (!doesGo) clash(i);
-            }
-        }
-
-        private void clash(int at) {
-            guesses.clash(bodies.reasons() | Guesses.bit(at));
-            phase = CLASH;
-        }
-
-        /**
-         * Goes from one instance to one of some that ask for one another, and for no others that have no body. Of these it
-         * is the largest one: as no type is too large, more can follow from that.
-         */
-        private void goRound() {
-            int at = 0;
-            int height = 0;
-            bodies.look(one);
-            int next = bodies.known(one) == 0 ? one : nextNotLinked(0);
-            if (next == NONE) next = one;
-            boolean isRound = false;
-            for (int i = 0; i < MOST && !isRound; i++) {
-                if (next != NONE) {
-                    table.setNote(next, TypeTable.ORIGIN, at);
-                    putOnPath(gathered + height, next);
-                    at = height++;
-                    table.setNote(next, TypeTable.LINK, height);
-                }
-                int type = path[gathered + at];
-                bodies.look(type);
-                next = gathered + height < MOST_ON_PATH ? nextNotLinked(height) : NONE;
-                int least = leastLink(height, table.note(type, TypeTable.LINK));
-                isRound = next == NONE && least > at;
-                if (next == NONE && !isRound) {
-                    table.setNote(type, TypeTable.LINK, least);
-                    at = table.note(type, TypeTable.ORIGIN);
-                }
-            }
-            one = path[gathered + at];
-            for (int i = 0; i < height; i++) {
-                int type = path[gathered + i];
-                table.setNote(type, TypeTable.LINK, 0);
-                if (i > at && table.size(type) > table.size(one)) one = type;
-            }
-            phase = GUESS;
-            if (mode == SURE) beginWith(one, TRIAL);
-        }
-
-        private void putOnPath(int at, int type) {
-            if (at >= path.length) path = Arrays.copyOf(path, Math.max(FEW_ON_PATH, path.length << MORE));
-            path[at] = type;
-        }
-
-        private int nextNotLinked(int height) {
-            for (int i = 0; i < bodies.open(); i++) {
-                int stop = bodies.openStop(i);
-                int link = table.note(stop, TypeTable.LINK);
-                if (stop != NONE && (link == 0 || link > height)) return stop;
+        private int nextWithNumber() {
+            for (int i = 0; i < types.numbered(); i++) {
+                if (!Types.isInstance(types.head(i)) || types.isOpen(i)) continue;
+                types.pack(i * Types.WIDTH);
+                int id = instances.find(types.first, types.second, types.third);
+                if (id == NONE || Instances.isSingle(instances.whole(id))) continue;
+                if (instances.isMember(instances.follow(id))) return id;
             }
             return NONE;
         }
 
-        private int leastLink(int height, int own) {
-            int least = own;
-            for (int i = 0; i < bodies.open(); i++) {
-                int link = table.note(bodies.openStop(i), TypeTable.LINK);
-                if (link > 0 && link <= height) least = Math.min(least, link);
-            }
-            return least;
-        }
-
-        private void guess() {
-            int set = narrowed(one, bodies.look(one));
-            guesses.put(one, set, bodies.reasons());
-            phase = TRY;
-        }
-
-        private void tryNext() {
-            int at = guesses.count() - 1;
-            top = NONE;
-            willKnow(guesses.type(at), guesses.next(), Guesses.bit(at));
-        }
-
+        /** Takes back the last guess on which the clash depends, and those behind it. */
         private void goBack() {
-            if (!guesses.doClash()) phase = NO_OTHER;
-            else if (guesses.goBack()) phase = TRY;
-        }
-
-        /** There is a way to choose the bodies. The goal has its body for sure if it has it in all others as well. */
-        private void takeWay() {
-            int body = bodies.known(goal);
-            if (mode == SURE) {
-                phase = DONE;
-            } else if (mode == AGAIN || mode == TRIAL && found == 0 && !guesses.hasUntried()) {
-                guesses.keep();
-                beginWith(asked, SURE);
-            } else if (table.reasons(goal) == 0) {
-                beginWith(asked, SURE);
-            } else if (found != 0 && body != found) {
-                goFurther();
-            } else if (mode == WIDEST) {
-                finish(body);
-            } else {
-                isSole = found == 0;
-                found = body;
-                guesses.clash(isSole ? guesses.all() : table.reasons(goal));
-                phase = CLASH;
+            boolean isHigh = guessed > LAST_BIT && conflict >> LAST_BIT != 0;
+            int at = isHigh ? guessed - 1 : Long.SIZE - 1 - Long.numberOfLeadingZeros(conflict);
+            if (guessed == 0 || at < 0) {
+                guessed = 0;
+                end(NO_WAY);
+                return;
             }
-        }
-
-        /** There is no other way, or no way at all, or none in which the goal has another body. */
-        private void end() {
-            if (mode == TRIAL && found != 0 && isSole) {
-                beginWith(goal, AGAIN);
-            } else if (goal != asked) {
-                beginWith(asked, TRIAL);
-            } else if (found != 0) {
-                finish(found);
-            } else if (mode == WIDE) {
-                beginWith(asked, WIDEST);
-            } else if (mode == WIDEST) {
-                finish(firstFound);
-            } else if (guesses.without() == asked || guesses.without() == NONE) {
-                finish(Bodies.UNSURE_BIT);
-            } else {
-                // What does not depend on the body for which there is no way goes on.
-                bodies.free(guesses.without());
-                firstFound = Bodies.UNSURE_BIT;
-                beginWith(asked, SURE);
+            int row = at * ROW;
+            long others = at <= LAST_BIT ? conflict & ~bit(at) : conflict;
+            if (others == 0) {
+                ruleOut(at);
+                return;
             }
-        }
-
-        /** Where the goal has several bodies, a way is looked for with which more goes. */
-        private void goFurther() {
-            if (goal != asked) {
-                beginWith(asked, TRIAL);
-            } else if (mode == WIDE) {
-                beginWith(asked, WIDEST);
-            } else if (firstFound != 0) {
-                finish(firstFound);
-            } else {
-                firstFound = found;
-                phase = GATHER;
+            undo((int) guesses[row + AHEAD]);
+            for (int i = 0; i < at; i++) {
+                if (guesses[i * ROW + SEEN] > at) guesses[i * ROW + SEEN] = 0;
             }
+            conflict = others | guesses[row + CONFLICT];
+            guesses[row + CONFLICT] = conflict;
+            boolean hasMore = guesses[row + UNTRIED] != 0;
+            guessed = hasMore ? at + 1 : at;
+            if (hasMore) phase = GUESS;
         }
 
-        /** Gathers all instances on which the goal may depend, unless they are too many. */
-        private void gather() {
-            guesses.clear();
-            lookSo(Bodies.DEEP);
-            gathered = 0;
-            addGathered(goal);
-            for (int i = 0; i < gathered && gathered < MOST_GATHERED; i++) {
-                int before = 0;
-                while (before < gathered && gathered < MOST_GATHERED) {
-                    before = gathered;
-                    bodies.putMark(tried());
-                    bodies.look(path[i]);
-                    for (int j = 0; j < bodies.open(); j++) {
-                        int stop = bodies.openStop(j);
-                        if (stop != NONE && isNew(stop)) addGathered(stop);
-                    }
-                }
-            }
-            beginWith(asked, gathered < MOST_GATHERED ? WIDE : WIDEST);
-        }
-
-        private void addGathered(int type) {
-            putOnPath(gathered, type);
-            gathered++;
-            table.setNote(type, TypeTable.LINK, tried());
-        }
-
-        private void giveUp() {
-            boolean isWide = mode == WIDE || mode == WIDEST;
-            if (isWide || goal == asked && found != 0) finish(isWide ? firstFound : found);
-            else phase = DONE;
-            guesses.clear();
-        }
-
-        private void finish(int body) {
-            newBody = body;
-            phase = ANSWER;
-        }
-
-        private void answer() {
-            guesses.clear();
-            table.makeRoom();
-            bodies.answer(asked, newBody);
-            phase = DONE;
-        }
-    }
-
-    /**
-     * What instances have in common whose bases are the same but for parts. A part of a type is opened only as far as a
-     * pattern can come to it; otherwise it can be told apart only by its size, its kind, and to what it leads.
-     */
-    private static final class Likeness {
-        private static final int MOST = 62;
-        /** Stands for a pattern that tells all types apart. */
-        private static final long WHOLE = 1L << MOST;
-        private static final int BASES = Templates.TEMPLATES * (Templates.EACH + 1);
-
-        private final TypeTable table;
-        private final Templates templates;
-        private final Bodies bodies;
-        private int changes = NONE;
-        /** The patterns and those in them, but for parameters, and where those in them stand, NONE for parameters. */
-        private int count;
-        private final int[] patterns = new int[MOST];
-        private final int[] firsts = new int[MOST];
-        private final int[] seconds = new int[MOST];
-        /** Sets of these: by what stands ahead, for the first and second types of instances, for any part. */
-        private final long[] headed = new long[TypeTable.HEADS];
-        private final long[] asked = new long[Templates.TEMPLATES * 2];
-        private long askedAnywhere;
-        private boolean doLead;
-        /** A type with its parts, those behind what is not opened left out, and what is asked of each. */
-        private final int[] row = new int[TypeTable.LARGEST + 1];
-        private final boolean[] areOpened = new boolean[TypeTable.LARGEST + 1];
-        private int length;
-        private final int[] stack = new int[TypeTable.LARGEST + 1];
-        private final long[] stackAsked = new long[TypeTable.LARGEST + 1];
-
-        Likeness(TypeTable table, Templates templates, Bodies bodies) {
-            this.table = table;
-            this.templates = templates;
-            this.bodies = bodies;
-        }
-
-        /** To be called ahead of a search, as the templates may have changed. */
-        void renew() {
-            if (changes == templates.changes()) return;
-            changes = templates.changes();
-            count = 0;
-            askedAnywhere = 0;
-            doLead = false;
-            Arrays.fill(headed, 0);
-            Arrays.fill(asked, 0);
-            for (int template = 0; template < templates.count(); template++) {
-                for (int i = 0; i < templates.specialisations(template); i++) {
-                    takeRow(template, i);
-                }
-            }
-            long before = NONE;
-            for (int i = 0; i <= MOST && before != askedAnywhere; i++) {
-                before = askedAnywhere;
-                for (int j = 0; j < BASES; j++) {
-                    askBase(templates.base(j / (Templates.EACH + 1), j % (Templates.EACH + 1) - 1));
-                }
-            }
-        }
-
-        private void takeRow(int template, int specialisation) {
-            int met = 0;
-            boolean isTwice = false;
-            for (int i = 0; i < Templates.ROW; i++) {
-                int pattern = templates.pattern(template, specialisation, i);
-                int size = table.size(table.place(pattern));
-                for (int j = 0; j < size; j++) {
-                    int token = table.token(pattern, j);
-                    int bit = TypeTable.isParameter(token) ? 1 << token - TypeTable.PARAMETER : 0;
-                    if ((met & bit) != 0) isTwice = true;
-                    met |= bit;
-                }
-                asked[template * 2 + i] |= taken(table.place(pattern));
-            }
-            for (int i = 0; i < Templates.ROW && isTwice; i++) {
-                asked[template * 2 + i] |= WHOLE;
-            }
-            for (int i = 0; i < PARAMETERS; i++) {
-                if (templates.wanted(Templates.place(template, specialisation), i) != 0) doLead = true;
-            }
-        }
-
-        /** A pattern as a set of one, which is taken with all those in it; WHOLE if there are too many. */
-        private long taken(int pattern) {
-            int from = count;
-            int first = index(pattern);
-            for (int i = from; i < count && first < MOST; i++) {
-                firsts[i] = index(table.first(patterns[i]));
-                seconds[i] = index(table.second(patterns[i]));
-            }
-            return bit(first);
-        }
-
-        private static long bit(int index) {
-            return index == NONE ? 0 : 1L << index;
-        }
-
-        private int index(int pattern) {
-            if (pattern == NONE || TypeTable.isParameter(table.head(pattern))) return NONE;
-            for (int i = 0; i < count; i++) {
-                if (patterns[i] == pattern) return i;
-            }
-            if (count == MOST) return MOST;
-            patterns[count] = pattern;
-            headed[table.head(pattern)] |= 1L << count;
-            return count++;
-        }
-
-        /** What is asked of the first or second part of a type of which these patterns are asked, but for those of it. */
-        private long askedOf(long all, int head, boolean isFirst) {
-            long asked = all & WHOLE;
-            long left = all & headed[head];
-            for (int i = 0; i < count && left != 0; i++) {
-                if ((left >> i & 1) == 1) asked |= bit(isFirst ? firsts[i] : seconds[i]);
-            }
-            return asked;
-        }
-
-        /** Finds what is asked of that for which the parameters in a base stand. */
-        private void askBase(int number) {
-            int size = table.size(table.place(number));
-            int left = 0;
-            int at = table.place(number);
-            for (int i = 0; i < size; i++) {
-                row[i] = at;
-                int second = table.second(at);
-                if (second != NONE) stack[left++] = second;
-                at = table.first(at);
-                if (at == NONE && left > 0) at = stack[--left];
-            }
-            for (int i = 0; i < size; i++) {
-                int head = table.head(row[i]);
-                boolean isInstance = TypeTable.isInstance(head);
-                if (i > 0) ask(askedAnywhere, row[i]);
-                if (isInstance) ask(asked[TypeTable.templateOf(head) * 2], table.first(row[i]));
-                if (isInstance) ask(asked[TypeTable.templateOf(head) * 2 + 1], table.second(row[i]));
-            }
-        }
-
-        private void ask(long all, int type) {
-            int left = 0;
-            int at = type;
-            long asked = all;
-            for (int i = 0; i < TypeTable.LARGEST && at != NONE; i++) {
-                int head = table.head(at);
-                boolean goesOn = asked != 0 && table.isOpen(at) && !TypeTable.isParameter(head);
-                if (TypeTable.isParameter(head)) askedAnywhere |= asked;
-                int second = goesOn ? table.second(at) : NONE;
-                if (second != NONE) {
-                    stack[left] = second;
-                    stackAsked[left++] = askedOf(asked, head, false);
-                }
-                at = goesOn ? table.first(at) : NONE;
-                if (at != NONE) {
-                    asked = askedOf(asked, head, true);
-                } else if (left > 0) {
-                    at = stack[--left];
-                    asked = stackAsked[left];
-                }
-            }
-        }
-
-        /** Whether likeness can shorten the search for a body. */
-        boolean isOfUse() {
-            return doLead;
-        }
-
-        /** How many parts there are of which it must be known to what they lead. */
-        int parts(int type) {
-            if (!doLead) return 0;
-            cut(type);
-            int parts = 0;
-            for (int i = 1; i < length; i++) {
-                if (!areOpened[i] && TypeTable.isInstance(table.head(row[i]))) row[parts++] = row[i];
-            }
-            return parts;
-        }
-
-        int part(int at) {
-            return row[at];
-        }
-
-        /** What stands for all types that are like one, the type itself if there are none. */
-        int key(int type, boolean isByLikeness) {
-            cut(type);
-            int left = 0;
-            for (int i = length - 1; i >= 0; i--) {
-                int head = table.head(row[i]);
-                int first = areOpened[i] && head >= TypeTable.POINTER && left > 0 ? stack[--left] : NONE;
-                int second = areOpened[i] && head >= TypeTable.TWOFOLD && left > 0 ? stack[--left] : NONE;
-                int led = areOpened[i] || !doLead ? 0 : bodies.led(row[i], isByLikeness);
-                int size = table.size(row[i]);
-                long shape = areOpened[i] ? TypeTable.shape(head, first, second, size, false)
-                        : TypeTable.shape(TypeTable.likeHead(head), led, NONE, size, false);
-                stack[left++] = TypeTable.isLike(head) ? row[i] : table.kept(shape);
-            }
-            return left > 0 ? stack[0] : NONE;
-        }
-
-        private void cut(int type) {
-            length = 0;
-            int left = 0;
-            int at = type;
-            long all = WHOLE;
-            for (int i = 0; i < TypeTable.LARGEST && at != NONE; i++) {
-                int head = table.head(at);
-                boolean isOpened = i == 0 || !TypeTable.isLike(head) && (all & (headed[head] | WHOLE)) != 0;
-                row[length] = at;
-                areOpened[length++] = isOpened;
-                int own = TypeTable.isInstance(head) ? TypeTable.templateOf(head) * 2 : NONE;
-                int second = isOpened ? table.second(at) : NONE;
-                long most = i == 0 ? 0 : all;
-                if (second != NONE) {
-                    stack[left] = second;
-                    stackAsked[left++] = askedOf(most, head, false) | askedAnywhere | (own == NONE ? 0 : asked[own + 1]);
-                }
-                at = isOpened ? table.first(at) : NONE;
-                if (at != NONE) {
-                    all = askedOf(most, head, true) | askedAnywhere | (own == NONE ? 0 : asked[own]);
-                } else if (left > 0) {
-                    at = stack[--left];
-                    all = stackAsked[left];
-                }
-            }
+        /** A body that goes with no others is left out for good, and all guesses begin anew. */
+        private void ruleOut(int at) {
+            int decider = instances.follow((int) guesses[at * ROW + GUESSED]);
+            int out = Instances.origin(instances.map(), (int) guesses[at * ROW + TRIED]);
+            undo((int) guesses[AHEAD]);
+            int set = instances.set(decider) & ~out;
+            if (at > 0) untested |= tested;
+            guessed = 0;
+            phase = SPREAD;
+            if (set == 0) clash(0);
+            else narrow(decider, set, 0);
         }
     }
 
@@ -2990,7 +3093,7 @@ public final class Overloadery {
         static final int FUNCTIONS = 24;
         static final int EACH = 3;
 
-        private final TypeTable table;
+        private final Types types;
         private int namespaces = 1;
         private final int[] outers = new int[NAMESPACES];
         private int count;
@@ -3001,8 +3104,8 @@ public final class Overloadery {
         private final char[] modes = new char[FUNCTIONS * EACH];
         private final int[] told = new int[FUNCTIONS * EACH];
 
-        Functions(TypeTable table) {
-            this.table = table;
+        Functions(Types types) {
+            this.types = types;
             outers[0] = NONE;
         }
 
@@ -3069,54 +3172,51 @@ public final class Overloadery {
 
         boolean isOfTemplate(int function) {
             for (int i = 0; i < counts[function]; i++) {
-                if (table.isOpen(table.place(told(function, i)))) return true;
+                if (types.isOpen(told(function, i))) return true;
             }
             return false;
         }
     }
 
-    /** The arguments of a call, and how they come to the parameters of a function. */
+    /** The arguments of a call, how they come to the parameters of a function, the candidates, and which is chosen. */
     private static final class Call {
-        /** The frames of bindings: what is deduced, what is tried, what a base gave. */
-        private static final int DEDUCED = 0;
-        private static final int TRIED = 1;
-        private static final int OF_BASE = 2;
-
         private static final int RANK = 1000;
         private static final int TO_TRUTH = 99;
-        /** Far more than a function can ask for. */
-        static final int MOST_NEEDED = 10_000;
+        private static final int NO_VIABLE = -1;
+        private static final int NO_BEST = -2;
+        private static final int DELETED = -3;
+        private static final int NOT_SURE = -4;
 
-        private final TypeTable table;
+        private final Types types;
         private final Hierarchy hierarchy;
-        private final Bodies bodies;
+        private final Templates templates;
         private final Functions functions;
-        private final Bindings bindings;
+        private final Look look;
         private int count;
         private final int[] arguments = new int[Functions.EACH];
         private final char[] categories = new char[Functions.EACH];
-        /** The types of the parameters of the function that was looked at last. */
+        /** The places of the types of the parameters of the function that was looked at last. */
         private final int[] taken = new int[Functions.EACH];
         private final int[] ways = new int[Functions.FUNCTIONS * Functions.EACH];
         private final boolean[] areSure = new boolean[Functions.FUNCTIONS * Functions.EACH];
-        private final int[] line = new int[Bodies.STEPS];
+        private final boolean[] areCandidates = new boolean[Functions.FUNCTIONS];
+        private final boolean[] areViable = new boolean[Functions.FUNCTIONS];
 
-        Call(TypeTable table, Hierarchy hierarchy, Bodies bodies, Functions functions) {
-            this.table = table;
+        Call(Types types, Hierarchy hierarchy, Templates templates, Functions functions, Look look) {
+            this.types = types;
             this.hierarchy = hierarchy;
-            this.bodies = bodies;
+            this.templates = templates;
             this.functions = functions;
-            bindings = new Bindings(table, OF_BASE + 1);
-            bindings.empty(DEDUCED);
+            this.look = look;
         }
 
         int count() {
             return count;
         }
 
-        /** The type of an argument. */
+        /** The place of the type of an argument. */
         int argument(int at) {
-            return table.place(arguments[at]);
+            return arguments[at] * Types.WIDTH;
         }
 
         int put(int type, char category) {
@@ -3131,83 +3231,160 @@ public final class Overloadery {
             return before;
         }
 
-        /** 1000 times the rank and the grade. */
-        int wayOf(int function, int argument) {
-            return ways[function * Functions.EACH + argument];
+        /** The place of what was deduced for a parameter in the function that was looked at last, NONE for nothing. */
+        int boundPlace(int parameter) {
+            return types.bound[Types.DEDUCED * PARAMETERS + parameter];
         }
 
-        boolean isSure(int function, int argument) {
-            return areSure[function * Functions.EACH + argument];
+        // ---- candidates
+
+        /** Takes as the candidates those of the innermost namespace that has some. */
+        void beginCandidates(int namespace, int name) {
+            Arrays.fill(areCandidates, false);
+            int at = namespace;
+            for (int i = 0; i < Functions.NAMESPACES && at != NONE; i++) {
+                at = takesFrom(at, name) ? NONE : functions.outer(at);
+            }
         }
 
-        /** What was deduced for a parameter in the function that was looked at last, NONE for nothing. */
-        int bound(int parameter) {
-            return bindings.type(DEDUCED, parameter);
+        /** Takes those of a namespace, too, and tells whether there are some. */
+        boolean takesFrom(int namespace, int name) {
+            boolean hasSome = false;
+            for (int i = 0; i < functions.count(); i++) {
+                if (functions.isNamed(i, namespace, name)) {
+                    areCandidates[i] = true;
+                    hasSome = true;
+                }
+            }
+            return hasSome;
         }
 
-        /**
-         * Finds how the arguments come to the parameters of a function, and tells whether it is viable; if the body of an
-         * instance is needed, it is to be called again then.
-         */
-        boolean settles(int function) {
-            bindings.empty(DEDUCED);
+        /** The classes by way of whose namespace a candidate may be found that is missing, as bits. */
+        int wantedClasses(int name) {
+            int wanted = 0;
+            for (int i = 0; i < functions.count(); i++) {
+                for (int cls = 0; cls < hierarchy.count() && !areCandidates[i]; cls++) {
+                    if (functions.isNamed(i, hierarchy.namespace(cls), name)) wanted |= 1 << cls;
+                }
+            }
+            return wanted;
+        }
+
+        int candidateCount() {
+            int sum = 0;
+            for (int i = 0; i < functions.count(); i++) {
+                if (areCandidates[i]) sum++;
+            }
+            return sum;
+        }
+
+        // ---- what is asked, for what is supposed of bodies
+
+        /** What is asked of one function, or of all that there are, or of all candidates. */
+        long answer(int kind, int function, int other) {
+            if (kind == SHARE || kind == BEST || kind == BEST_ANEW) {
+                for (int i = 0; i < functions.count(); i++) {
+                    areViable[i] = (kind == SHARE || areCandidates[i]) && settles(i);
+                }
+                if (kind == SHARE) return viableCount();
+                return answerFor(kind == BEST ? bestByWalks() : bestByPairs());
+            }
+            boolean isViable = settles(function);
+            if (kind == VIABLE) return isViable ? 1 : 0;
+            if (!isViable) return NOT_VIABLE;
+            if (kind == COMING) {
+                int way = ways[function * Functions.EACH + other];
+                return areSure[function * Functions.EACH + other] ? way : -1 - way;
+            }
+            int place = boundPlace(other);
+            if (place == NONE) return NOTHING;
+            types.pack(place);
+            return Instances.mixed(types.first, types.second, types.third) >>> 1;
+        }
+
+        private int viableCount() {
+            int sum = 0;
+            for (int i = 0; i < functions.count(); i++) {
+                if (areViable[i]) sum++;
+            }
+            return sum;
+        }
+
+        /** Finds how the arguments come to the parameters of a function, and tells whether it is viable. */
+        private boolean settles(int function) {
+            types.empty(Types.DEDUCED);
             if (functions.parameters(function) != count) return false;
             for (int i = 0; i < count; i++) {
                 int told = functions.told(function, i);
-                int type = table.place(told);
-                taken[i] = table.isOpen(type) ? matched(told, argument(i)) : type;
+                taken[i] = types.isOpen(told) ? matched(told, i) : told * Types.WIDTH;
                 if (taken[i] == NONE) return false;
             }
-            if (!bodies.areMet(bindings, DEDUCED, Functions.constraintSet(function))) return false;
+            if (!look.areMet(Types.DEDUCED, Functions.constraintSet(function))) return false;
             for (int i = 0; i < count; i++) {
                 int way = directWay(function, i);
-                int conversions = 1;
+                int conversions = 0;
                 boolean isMadeFor = way == NONE && functions.mode(function, i) != 'r';
                 if (isMadeFor) way = valueWay(argument(i), taken[i]);
-                if (isMadeFor && way == NONE) {
-                    conversions = conversions(argument(i), taken[i]);
-                    if (conversions > 0) way = 3 * RANK;
+                for (int j = 0; j < 2 * Hierarchy.TOLD && isMadeFor && way == NONE; j++) {
+                    int told = conversion(argument(i), taken[i], j);
+                    int from = j < Hierarchy.TOLD ? argument(i) : told;
+                    int to = j < Hierarchy.TOLD ? told : taken[i];
+                    if (told != NONE && (types.isSame(from, to) || valueWay(from, to) != NONE)) conversions++;
                 }
+                if (conversions > 0) way = 3 * RANK;
                 if (way == NONE) return false;
                 ways[function * Functions.EACH + i] = way;
-                areSure[function * Functions.EACH + i] = conversions == 1;
+                areSure[function * Functions.EACH + i] = conversions < 2;
             }
             return true;
         }
 
-        /** The type that a pattern takes: that of the argument, or the only one of its bases that matches. */
-        private int matched(int pattern, int type) {
+        /** The place of a type that is told for a conversion, those from which a class can be made first; or NONE. */
+        private int conversion(int from, int to, int at) {
+            boolean isFrom = at < Hierarchy.TOLD;
+            int head = types.tokens[isFrom ? to : from];
+            int place = isFrom ? at : at - Hierarchy.TOLD;
+            if (!Types.isClass(head) || place >= hierarchy.conversions(head - Types.CLASS, isFrom)) return NONE;
+            return hierarchy.conversionAt(head - Types.CLASS, isFrom, place) * Types.WIDTH;
+        }
+
+        /** The place of the type that a pattern takes: that of the argument, or the only one of its bases that matches. */
+        private int matched(int pattern, int at) {
+            int type = argument(at);
             if (triesPattern(pattern, type)) {
-                bindings.copy(TRIED, DEDUCED);
+                types.copyFrame(Types.TRIED, Types.DEDUCED);
                 return type;
             }
-            if (!TypeTable.isInstance(table.token(pattern, 0))) return NONE;
+            if (!Types.isInstance(types.head(pattern))) return NONE;
             int only = NONE;
             int base = type;
-            for (int step = 0; step < Bodies.STEPS && TypeTable.isInstance(table.head(base)); step++) {
-                base = bodies.base(base);
+            for (int step = 0; step < Look.STEPS && Types.isInstance(types.tokens[base]); step++) {
+                base = look.baseAt(base, look.supposedOf(look.setAt(base)), Types.LINE + step);
                 if (base == NONE || isInLine(base, step)) break;
-                line[step] = base;
                 if (triesPattern(pattern, base)) {
                     if (only != NONE) return NONE;
                     only = base;
-                    bindings.copy(TRIED, OF_BASE);
                 }
             }
-            if (only != NONE) bindings.copy(OF_BASE, DEDUCED);
+            if (only == NONE) return NONE;
+            // Another argument's bases may be written there, so the one that is taken is kept elsewhere.
+            types.copyRow(only, Types.TAKEN + at);
+            only = (Types.TAKEN + at) * Types.WIDTH;
+            triesPattern(pattern, only);
+            types.copyFrame(Types.TRIED, Types.DEDUCED);
             return only;
         }
 
         private boolean isInLine(int base, int length) {
             for (int i = 0; i < length; i++) {
-                if (line[i] == base) return true;
+                if (types.isSame((Types.LINE + i) * Types.WIDTH, base)) return true;
             }
             return false;
         }
 
-        private boolean triesPattern(int pattern, int type) {
-            bindings.copy(DEDUCED, TRIED);
-            return bindings.matches(TRIED, pattern, type);
+        private boolean triesPattern(int pattern, int place) {
+            types.copyFrame(Types.DEDUCED, Types.TRIED);
+            return types.matches(Types.TRIED, pattern, NONE, place);
         }
 
         /** How an argument comes without a value that is made for it. */
@@ -3216,9 +3393,9 @@ public final class Overloadery {
             char mode = functions.mode(function, at);
             boolean isGoing = category == 'r';
             if (mode == 'r' && category != 'l') return NONE;
-            boolean isAlone = TypeTable.isParameter(table.token(functions.told(function, at), 0));
+            boolean isAlone = Types.isParameter(types.head(functions.told(function, at)));
             if (mode == 'm' && !isGoing && !isAlone) return NONE;
-            int steps = bodies.steps(argument(at), taken[at], table.head(taken[at]));
+            int steps = look.steps(argument(at), taken[at]);
             if (steps < 0) return NONE;
             boolean isWorse = mode == 'm' ? !isGoing : mode != 'r' && category != 'k';
             return (steps == 0 ? 0 : 2 * RANK + 2 * steps) + (isWorse ? 1 : 0);
@@ -3226,254 +3403,42 @@ public final class Overloadery {
 
         /** How a type comes to another one by a value that is made, but for the conversions of classes. */
         private int valueWay(int from, int to) {
-            int head = table.head(from);
-            int target = table.head(to);
-            if (TypeTable.isBasic(head)) {
-                if (!TypeTable.isBasic(target) || head == target) return NONE;
-                boolean isGrowing = head == TypeTable.TRUTH || head == TypeTable.LETTER;
-                return isGrowing && target == TypeTable.WHOLE ? RANK : 2 * RANK;
+            int head = types.tokens[from];
+            int target = types.tokens[to];
+            if (Types.isBasic(head)) {
+                if (!Types.isBasic(target) || head == target) return NONE;
+                boolean isGrowing = head == Types.TRUTH || head == Types.LETTER;
+                return isGrowing && target == Types.WHOLE ? RANK : 2 * RANK;
             }
-            if (head != TypeTable.POINTER) return NONE;
-            if (target == TypeTable.TRUTH) return 2 * RANK + TO_TRUTH;
-            if (target != TypeTable.POINTER) return NONE;
-            int steps = bodies.steps(table.first(from), table.first(to), table.head(table.first(to)));
+            if (head != Types.POINTER) return NONE;
+            if (target == Types.TRUTH) return 2 * RANK + TO_TRUTH;
+            if (target != Types.POINTER) return NONE;
+            int steps = look.steps(from + 1, to + 1);
             return steps > 0 ? 2 * RANK + 2 * steps : NONE;
         }
 
-        /** The number of ways by a conversion of a class. */
-        private int conversions(int from, int to) {
-            int head = table.head(from);
-            int target = table.head(to);
-            int ways = 0;
-            if (TypeTable.isClass(target)) {
-                int cls = target - TypeTable.CLASS;
-                for (int i = 0; i < hierarchy.conversions(cls, true); i++) {
-                    int told = table.place(hierarchy.conversionAt(cls, true, i));
-                    if (told == from || valueWay(from, told) != NONE) ways++;
-                }
-            }
-            if (TypeTable.isClass(head)) {
-                int cls = head - TypeTable.CLASS;
-                for (int i = 0; i < hierarchy.conversions(cls, false); i++) {
-                    int told = table.place(hierarchy.conversionAt(cls, false, i));
-                    if (told == to || valueWay(told, to) != NONE) ways++;
-                }
-            }
-            return ways;
-        }
-    }
-
-    /** The candidates of a call, and which of them is chosen. */
-    private static final class Choice {
-        private static final int NO_VIABLE = -1;
-        private static final int NO_BEST = -2;
-        private static final int DELETED = -3;
-        private static final int NOT_SURE = -4;
-        /** The ways to walk: the smallest one of all first, or all in turn. */
-        private static final int SMALLEST_FIRST = 0;
-        static final int WAYS = 2;
-        /** The queue of those that wait; the others are for the sizes, or there is one. */
-        private static final int LATE = TypeTable.LARGEST + 1;
-
-        private final TypeTable table;
-        private final Hierarchy hierarchy;
-        private final Templates templates;
-        private final Bodies bodies;
-        private final Functions functions;
-        private final Call call;
-        private final Likeness likeness;
-        private final boolean[] areIn = new boolean[Functions.FUNCTIONS];
-        private int name;
-        /** The classes by way of which something may be found that is missing, as bits. */
-        private int wanted;
-        /** The walk through the types on which the candidates depend: the queues of those that are to be looked at. */
-        private int way;
-        private int current;
-        private boolean isLate;
-        private final int[] firsts = new int[LATE + 1];
-        private final int[] lasts = new int[LATE + 1];
-
-        Choice(TypeTable table, Hierarchy hierarchy, Templates templates, Bodies bodies, Likeness likeness,
-                Functions functions, Call call) {
-            this.table = table;
-            this.hierarchy = hierarchy;
-            this.templates = templates;
-            this.bodies = bodies;
-            this.functions = functions;
-            this.call = call;
-            this.likeness = likeness;
-        }
-
-        int count() {
-            int sum = 0;
-            for (int i = 0; i < functions.count(); i++) {
-                if (areIn[i]) sum++;
-            }
-            return sum;
-        }
-
-        /** Finds the candidates of the call of a name that are there whatever the arguments are. */
-        void begin(int namespace, int name) {
-            this.name = name;
-            for (int i = 0; i < Functions.FUNCTIONS; i++) {
-                areIn[i] = false;
-            }
-            int at = namespace;
-            for (int i = 0; i < Functions.NAMESPACES && at != NONE; i++) {
-                at = takeFrom(at) ? NONE : functions.outer(at);
-            }
-            findWanted();
-        }
-
-        private boolean takeFrom(int namespace) {
-            boolean hasSome = false;
-            for (int i = 0; i < functions.count(); i++) {
-                if (functions.isNamed(i, namespace, name)) {
-                    areIn[i] = true;
-                    hasSome = true;
-                }
-            }
-            return hasSome;
-        }
-
-        /** Finds the classes by way of which a function may be found that is missing, as bits. */
-        private void findWanted() {
-            wanted = 0;
-            for (int i = 0; i < functions.count(); i++) {
-                for (int cls = 0; cls < hierarchy.count() && !areIn[i]; cls++) {
-                    if (functions.isNamed(i, hierarchy.namespace(cls), name)) wanted |= 1 << cls;
-                }
-            }
-        }
-
-        /**
-         * Begins a walk through a type, the types in it, and those that are bases of these. There may be more than there
-         * is room for, so that there are several ways, which go to different ones first.
-         */
-        void beginWalk(int type, int way) {
-            this.way = way;
-            Arrays.fill(firsts, NONE);
-            Arrays.fill(lasts, NONE);
-            enqueue(type);
-            current = next();
-        }
-
-        /** Goes on until the body of an instance is needed, and tells whether one is. */
-        boolean goesOn() {
-            for (int i = 0; i < TypeTable.ROOM && !isDone() && !table.isFull(); i++) {
-                int head = table.head(current);
-                enqueue(table.first(current));
-                enqueue(table.second(current));
-                if (TypeTable.isClass(head)) takeFromClass(head - TypeTable.CLASS);
-                int base = TypeTable.isInstance(head) ? newBase() : NONE;
-                enqueue(base);
-                if (bodies.needsOne()) return true;
-                current = next();
-            }
-            return false;
-        }
-
-        /** Whether there is something to find yet. */
-        boolean lacksSome() {
-            return wanted != 0;
-        }
-
-        /** Whether there is nothing to find, or nothing that was not looked at. */
-        boolean isDone() {
-            return current == NONE || wanted == 0;
-        }
-
-        /** Whether there are only types left for which it takes long to find the base. */
-        boolean isLate() {
-            return isLate;
-        }
-
-        /** Lets a type wait for which it takes long to find the base, until there are no others. */
-        void putOff() {
-            put(current, LATE);
-            current = next();
-        }
-
-        /** The base of a type; NONE if there is none, if that of one like it was queued, or if a body is needed first. */
-        private int newBase() {
-            boolean doesLiken = table.count() > Search.MANY;
-            table.makeRoom();
-            int parts = doesLiken ? likeness.parts(current) : 0;
-            for (int i = 0; i < parts && !bodies.needsOne(); i++) {
-                bodies.led(likeness.part(i), false);
-            }
-            int key = bodies.needsOne() || !doesLiken ? current : likeness.key(current, false);
-            boolean isLikeOther = key != current && table.note(key, TypeTable.QUEUE) != 0;
-            int base = bodies.needsOne() || isLikeOther ? NONE : bodies.base(current);
-            if (key != current && !bodies.needsOne()) table.setNote(key, TypeTable.QUEUE, 1);
-            return base;
-        }
-
-        /** The next type of the queue, the smallest one if there are several queues; NONE if there is none. */
-        private int next() {
-            for (int i = 0; i <= LATE; i++) {
-                int type = firsts[i];
-                isLate = i == LATE;
-                if (type == NONE) continue;
-                firsts[i] = table.note(type, TypeTable.QUEUE) - 2;
-                if (firsts[i] == NONE) lasts[i] = NONE;
-                return type;
-            }
-            return NONE;
-        }
-
-        private void enqueue(int type) {
-            if (isWanted(type)) put(type, way == SMALLEST_FIRST ? table.size(type) : 0);
-        }
-
-        private void put(int type, int queue) {
-            table.setNote(type, TypeTable.QUEUE, 1);
-            if (lasts[queue] == NONE) firsts[queue] = type;
-            else table.setNote(lasts[queue], TypeTable.QUEUE, type + 2);
-            lasts[queue] = type;
-        }
-
-        /** Whether a type was not queued, and something that is missing may be found by way of it. */
-        private boolean isWanted(int type) {
-            if (type == NONE || table.note(type, TypeTable.QUEUE) != 0) return false;
-            return (templates.classesBehind(type) & wanted) != 0;
-        }
-
-        private void takeFromClass(int cls) {
-            for (int base = 0; base <= cls; base++) {
-                if (hierarchy.steps(cls, base) != NONE) takeFrom(hierarchy.namespace(base));
-            }
-            findWanted();
-        }
-
-        boolean has(int function) {
-            return areIn[function];
-        }
-
-        void drop(int function) {
-            areIn[function] = false;
-        }
+        // ---- choosing
 
         /** The best one by a walk for it and a walk against it. */
-        int bestByWalks() {
+        private int bestByWalks() {
             int best = NO_VIABLE;
             for (int i = 0; i < functions.count(); i++) {
-                if (areIn[i] && (best == NO_VIABLE || isBetter(i, best))) best = i;
+                if (areViable[i] && (best == NO_VIABLE || isBetter(i, best))) best = i;
             }
             for (int i = 0; i < functions.count() && best >= 0; i++) {
-                if (areIn[i] && i != best && !isBetter(best, i)) best = NO_BEST;
+                if (areViable[i] && i != best && !isBetter(best, i)) best = NO_BEST;
             }
             return best;
         }
 
         /** The best one by comparing each two. */
-        int bestByPairs() {
+        private int bestByPairs() {
             int answer = NO_VIABLE;
             for (int own = 0; own < functions.count(); own++) {
-                if (!areIn[own]) continue;
+                if (!areViable[own]) continue;
                 boolean isBest = true;
                 for (int other = 0; other < functions.count(); other++) {
-                    if (areIn[other] && other != own && !isBetter(own, other)) isBest = false;
+                    if (areViable[other] && other != own && !isBetter(own, other)) isBest = false;
                 }
                 if (isBest) return own;
                 answer = NO_BEST;
@@ -3481,19 +3446,19 @@ public final class Overloadery {
             return answer;
         }
 
-        int answer(int best) {
+        private int answerFor(int best) {
             if (best < 0) return best;
             if (functions.isDeleted(best)) return DELETED;
-            for (int i = 0; i < call.count(); i++) {
-                if (!call.isSure(best, i)) return NOT_SURE;
+            for (int i = 0; i < count; i++) {
+                if (!areSure[best * Functions.EACH + i]) return NOT_SURE;
             }
             return best;
         }
 
         private boolean isBetter(int own, int other) {
             boolean isAlike = true;
-            for (int i = 0; i < call.count(); i++) {
-                int difference = call.wayOf(own, i) - call.wayOf(other, i);
+            for (int i = 0; i < count; i++) {
+                int difference = ways[own * Functions.EACH + i] - ways[other * Functions.EACH + i];
                 if (difference > 0) return false;
                 if (difference < 0) isAlike = false;
             }
@@ -3502,7 +3467,355 @@ public final class Overloadery {
             boolean isOtherTemplate = functions.isOfTemplate(other);
             if (!isOwnTemplate || !isOtherTemplate) return !isOwnTemplate && isOtherTemplate;
             return templates.isMoreSpecial(functions.allTold(), own * Functions.EACH, other * Functions.EACH,
-                    call.count(), Functions.constraintSet(own), Functions.constraintSet(other));
+                    count, Functions.constraintSet(own), Functions.constraintSet(other));
+        }
+    }
+
+    /**
+     * Looks up the namespaces of the classes that are met by way of the arguments: in them, and in the bases of the
+     * instances in them, and so on. As there may be very many of these, it goes only so far at a level, in several orders.
+     */
+    private static final class Walk {
+        /** The orders: first what was met first, what is smallest, what was met last. */
+        static final int ORDERS = 3;
+        private static final int SMALLEST = 1;
+        private static final int LATEST = 2;
+
+        private static final int STEPS = 1 << 9;
+        private static final int LOOKS = 1 << 16;
+        private static final int FARTHER = 3;
+        /** How many in a line may be met without being noted. */
+        private static final int RUN = 16;
+        private static final int FEW = 1 << 6;
+        private static final int MORE = 5;
+        private static final int MOST_NOTED = 1 << 19;
+        private static final int MOST_PENDING = 1 << 15;
+        private static final int MOST_UNKNOWN = 32;
+
+        /** Behind the queues of the sizes are those of the instances whose bodies are to be found, by levels. */
+        private static final int OPEN = Types.LARGEST + 1;
+        private static final int QUEUES = OPEN + Descent.LEVELS;
+        /** One that is pending: the three words of its type, the third one with how long its line is; and the next one. */
+        private static final int NEXT = 3;
+        private static final int ROW = 4;
+        private static final int RUN_AT = 32;
+        private static final long THIRD = (1L << RUN_AT) - 1;
+
+        private final Types types;
+        private final Hierarchy hierarchy;
+        private final Templates templates;
+        private final Look look;
+        /** The classes that were asked for, those that are not met yet; the namespaces of those that were; all as bits. */
+        private int asked;
+        private int wanted;
+        private int found;
+        private int level;
+        private int order;
+        private int steps;
+        private int openLevel;
+        private boolean isCut;
+        /** Numbers that tell apart the instances that were met; each walk has a number of its own. */
+        private long[] noted = new long[FEW];
+        private int count;
+        private int round;
+        private long[] pending = new long[FEW * ROW];
+        private int used;
+        private int last;
+        private final int[] firsts = new int[QUEUES + 1];
+        private final int[] lasts = new int[QUEUES + 1];
+        /** The instances in a type whose bases are pending, told by their numbers. */
+        private final long[] sources = new long[Types.LARGEST];
+        private int sourceCount;
+        private final long[] unknown = new long[MOST_UNKNOWN * NEXT];
+        private int unknowns;
+
+        Walk(Types types, Hierarchy hierarchy, Templates templates, Look look) {
+            this.types = types;
+            this.hierarchy = hierarchy;
+            this.templates = templates;
+            this.look = look;
+        }
+
+        /** Begins to look up classes, told as bits, by way of types with these classes and templates in them. */
+        void begin(int classes, int contents) {
+            templates.findEnds();
+            templates.lookBehind(contents);
+            asked = classes;
+            wanted = classes;
+            found = 0;
+        }
+
+        /** The namespaces of the classes that were met, as bits. */
+        int found() {
+            return found;
+        }
+
+        /** Whether there is something to find yet. */
+        boolean lacksSome() {
+            return wanted != 0;
+        }
+
+        /** Whether nothing was left out. */
+        boolean isDone() {
+            return !isCut;
+        }
+
+        int openLevel() {
+            return openLevel;
+        }
+
+        void start(int level, int order) {
+            this.level = level;
+            this.order = order;
+            unknowns = 0;
+            clear();
+            isCut = false;
+        }
+
+        private void clear() {
+            if (count > 0) Arrays.fill(noted, 0);
+            count = 0;
+            startRound();
+        }
+
+        private void startRound() {
+            round++;
+            steps = 0;
+            used = 0;
+            Arrays.fill(firsts, NONE);
+            Arrays.fill(lasts, NONE);
+        }
+
+        /** How often may be looked at instances on the way. */
+        int mostLooks() {
+            return LOOKS << FARTHER * level;
+        }
+
+        // ---- what is pending
+
+        void put(int place) {
+            int size = types.ends[place] - place;
+            types.pack(place);
+            push(order == SMALLEST ? size : 0, 0);
+        }
+
+        /** Queues the type that was packed last. Those that are used no longer are in the last queue. */
+        private void push(int queue, int run) {
+            int at = firsts[QUEUES];
+            if (at != NONE) firsts[QUEUES] = (int) pending[at * ROW + NEXT];
+            else at = used < MOST_PENDING ? used++ : NONE;
+            if (at == NONE) {
+                isCut = true;
+                last = NONE;
+                return;
+            }
+            if ((at + 1) * ROW > pending.length) {
+                int length = Math.min(MOST_PENDING * ROW, pending.length << MORE);
+                pending = Arrays.copyOf(pending, length);
+            }
+            pending[at * ROW] = types.first;
+            pending[at * ROW + 1] = types.second;
+            pending[at * ROW + 2] = types.third | (long) run << RUN_AT;
+            last = at;
+            boolean isFirst = order == LATEST || firsts[queue] == NONE;
+            pending[at * ROW + NEXT] = isFirst ? firsts[queue] : NONE;
+            if (isFirst) firsts[queue] = at;
+            else pending[lasts[queue] * ROW + NEXT] = at;
+            if (!isFirst || lasts[queue] == NONE) lasts[queue] = at;
+        }
+
+        /** Takes the next one into a row, and tells how long its line is; NONE if there is none. */
+        private int taken() {
+            int queue = 0;
+            while (queue < QUEUES && firsts[queue] == NONE) {
+                queue++;
+            }
+            if (queue == QUEUES) return NONE;
+            int at = firsts[queue];
+            firsts[queue] = (int) pending[at * ROW + NEXT];
+            if (firsts[queue] == NONE) lasts[queue] = NONE;
+            pending[at * ROW + NEXT] = firsts[QUEUES];
+            firsts[QUEUES] = at;
+            long third = pending[at * ROW + 2];
+            types.unpack(pending[at * ROW], pending[at * ROW + 1], third & THIRD, Types.WALKED);
+            openLevel = queue >= OPEN ? queue - OPEN : NONE;
+            return (int) (third >> RUN_AT);
+        }
+
+        // ---- what was met
+
+        private boolean isNoted(long number) {
+            int mask = noted.length - 1;
+            int at = (int) number & mask;
+            for (int i = 0; i <= mask && noted[at] != 0; i++) {
+                if (noted[at] == number) return true;
+                at = at + 1 & mask;
+            }
+            return false;
+        }
+
+        private void note(long number) {
+            if (count > noted.length - noted.length / 4) grow();
+            int mask = noted.length - 1;
+            int at = (int) number & mask;
+            for (int i = 0; i <= mask && noted[at] != 0; i++) {
+                at = at + 1 & mask;
+            }
+            noted[at] = number;
+            count++;
+        }
+
+        private void grow() {
+            long[] before = noted;
+            if (before.length >= MOST_NOTED) return;
+            noted = new long[Math.min(MOST_NOTED, before.length << MORE)];
+            count = 0;
+            for (int i = 0; i < before.length; i++) {
+                if (before[i] != 0) note(before[i]);
+            }
+        }
+
+        private boolean isFull() {
+            return count > MOST_NOTED - MOST_NOTED / 8;
+        }
+
+        private void meet(int cls) {
+            int all = hierarchy.allBases(cls);
+            for (int i = 0; i < hierarchy.count(); i++) {
+                if ((all >> i & 1) == 1) found |= 1 << hierarchy.namespace(i);
+            }
+            findWanted();
+        }
+
+        private void findWanted() {
+            wanted = 0;
+            for (int i = 0; i < hierarchy.count(); i++) {
+                boolean isAsked = (asked >> i & 1) == 1;
+                if (isAsked && (found >> hierarchy.namespace(i) & 1) == 0) wanted |= 1 << i;
+            }
+        }
+
+        // ---- the walk
+
+        /** Goes on until the body of an instance must be found, and tells whether one must. */
+        boolean goesOn() {
+            while (wanted != 0 && steps < STEPS << FARTHER * level && !isFull()) {
+                int run = taken();
+                if (run == NONE) return false;
+                steps++;
+                if (openLevel != NONE) return true;
+                scan(run);
+            }
+            isCut = true;
+            return false;
+        }
+
+        /** The words of the instance whose body must be found. */
+        void packOpen() {
+            types.pack(Types.WALKED * Types.WIDTH);
+        }
+
+        /** Goes on from the instance whose body was looked for. */
+        void goFromOpen() {
+            sourceCount = 0;
+            int place = Types.WALKED * Types.WIDTH;
+            if (goesBehind(place)) return;
+            types.pack(place);
+            if (openLevel < level) {
+                push(OPEN + openLevel + 1, 0);
+                return;
+            }
+            isCut = true;
+            if (unknowns == MOST_UNKNOWN) return;
+            unknown[unknowns * NEXT] = types.first;
+            unknown[unknowns * NEXT + 1] = types.second;
+            unknown[unknowns * NEXT + 2] = types.third;
+            unknowns++;
+        }
+
+        /** Meets what is met behind each base that an instance can have whose body could not be found. */
+        void meetBehindUnknown() {
+            for (int i = 0; i < unknowns && wanted != 0; i++) {
+                int before = found;
+                int common = NONE;
+                int bodies = Instances.ALL;
+                for (int body = 0; body < Instances.BODIES && (common & ~before) != 0; body++) {
+                    long third = unknown[i * NEXT + 2];
+                    types.unpack(unknown[i * NEXT], unknown[i * NEXT + 1], third, Types.WALKED);
+                    if (body == 0) bodies = look.setAt(Types.WALKED * Types.WIDTH);
+                    if ((bodies >> body & 1) == 1) common &= foundBehind(body, before);
+                }
+                found = before | common;
+                findWanted();
+            }
+        }
+
+        private int foundBehind(int body, int before) {
+            startRound();
+            found = before;
+            findWanted();
+            int base = look.baseAt(Types.WALKED * Types.WIDTH, body, Types.OTHER);
+            if (base != NONE) put(base);
+            while (wanted != 0 && steps < STEPS << FARTHER * level && !isFull()) {
+                int run = taken();
+                if (run == NONE) break;
+                steps++;
+                if (openLevel == NONE) scan(run);
+            }
+            return found;
+        }
+
+        /** Goes through a type: to the classes in it, and to the bases of the instances in it. */
+        private void scan(int run) {
+            int from = Types.WALKED * Types.WIDTH;
+            sourceCount = 0;
+            int opened = 0;
+            for (int place = from; place < types.ends[from]; place++) {
+                int token = types.tokens[place];
+                if (Types.isClass(token)) meet(token - Types.CLASS);
+                if (!Types.isInstance(token)) continue;
+                if ((templates.classesBehind(Types.templateOf(token)) & wanted) == 0) continue;
+                types.pack(place);
+                long number = number();
+                if (isNoted(number)) continue;
+                sources[sourceCount] = number;
+                if (!goesBehind(place)) {
+                    note(number);
+                    types.pack(place);
+                    push(OPEN, 0);
+                    opened++;
+                }
+            }
+            boolean isLine = sourceCount == 1 && opened == 0 && run < RUN;
+            for (int i = 0; i < sourceCount && !isLine; i++) {
+                note(sources[i]);
+            }
+            if (isLine && last != NONE) pending[last * ROW + 2] |= (long) (run + 1) << RUN_AT;
+        }
+
+        /** A number of the type that was packed last, in this walk. */
+        private long number() {
+            long number = Instances.mixed(types.first, types.second ^ (long) round << RUN_AT + MORE, types.third);
+            return number == 0 ? 1 : number;
+        }
+
+        /** Queues the base of an instance; false if it may have several ones, so that its body must be found. */
+        private boolean goesBehind(int place) {
+            int bodies = look.setAt(place);
+            int base = NONE;
+            boolean isFirst = true;
+            for (int i = 0; i < Instances.BODIES; i++) {
+                if ((bodies >> i & 1) == 0) continue;
+                int other = look.baseAt(place, i, isFirst ? Types.OTHER : Types.OTHER + 1);
+                if (isFirst) base = other;
+                boolean isSame = base == NONE ? other == NONE : other != NONE && types.isSame(base, other);
+                if (!isSame) return false;
+                isFirst = false;
+            }
+            if (base == NONE) return true;
+            put(base);
+            sourceCount++;
+            return true;
         }
     }
 
