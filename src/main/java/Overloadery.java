@@ -410,27 +410,34 @@ public final class Overloadery {
         if (kind < BEST) instances.forget();
         int last = descent.looks() + LOOKS;
         long answer = 0;
+        boolean isCareful = false;
         for (int level = 0; level <= Descent.LEVELS; level++) {
-            if (descent.looks() > last) level = Descent.LEVELS;
-            boolean isFound = true;
-            for (int round = 0; round < ROUNDS && isFound; round++) {
-                look.begin();
+            boolean isLast = level == Descent.LEVELS || descent.looks() > last;
+            boolean isNew = true;
+            for (int round = 0; round < ROUNDS && isNew; round++) {
+                look.begin(isCareful);
                 boolean isAlike = true;
                 boolean goesOn = true;
                 for (int run = 0; run < RUNS && goesOn; run++) {
-                    long now = kind <= DISTANCE ? look.answer(kind, one * Types.WIDTH, two * Types.WIDTH)
-                            : call.answer(kind, one, two);
+                    for (int i = 0; i < functions.count() && kind > DISTANCE; i++) {
+                        call.settle(kind, one, i);
+                    }
+                    long now = kind > DISTANCE ? call.outcome(kind, one, two) : look.outcome(kind, one, two);
                     isAlike = run == 0 || now == answer;
                     if (run == 0) answer = now;
                     goesOn = isAlike && look.advances();
                 }
-                if (isAlike && !goesOn && !look.isOver()) return answer;
-                boolean isLast = level == Descent.LEVELS;
-                isFound = isLast;
+                boolean isOver = look.isOver() || isAlike && goesOn;
+                if (isAlike && !isOver) return answer;
+                if (isOver && !isCareful) {
+                    isCareful = true;
+                    continue;
+                }
+                isNew = isLast;
                 for (int i = 1; i < look.stops(); i++) {
                     long second = look.stopWord(i, 1);
                     if (isLast) descent.settleAtLeast(look.stopWord(i, 0), second, look.stopWord(i, 2));
-                    else if (descent.finds(look.stopWord(i, 0), second, look.stopWord(i, 2), level)) isFound = true;
+                    else if (descent.finds(look.stopWord(i, 0), second, look.stopWord(i, 2), level)) isNew = true;
                 }
             }
         }
@@ -445,7 +452,9 @@ public final class Overloadery {
         for (int i = 0; i < call.count(); i++) {
             contents |= table.contents(call.argument(i));
         }
-        walk.begin(call.wantedClasses(name), contents);
+        templates.findEnds();
+        templates.lookBehind(contents);
+        walk.begin(call.wantedClasses(name));
         boolean isDone = call.count() == 0;
         for (int i = 0; i < Descent.LEVELS * Walk.ORDERS && walk.lacksSome() && !isDone; i++) {
             walk.start(i / Walk.ORDERS, i % Walk.ORDERS);
@@ -458,7 +467,7 @@ public final class Overloadery {
                 if (descent.looks() < last) descent.finds(table.first, table.second, table.third, walk.openLevel());
                 walk.goFromOpen();
             }
-            walk.meetBehindUnknown();
+            walk.meetBehindUnknown(0, Look.STEPS);
             isDone = walk.isDone();
         }
         for (int i = 0; i < functions.namespaces(); i++) {
@@ -564,14 +573,15 @@ public final class Overloadery {
         /** The places of a row. */
         static final int WIDTH = 32;
 
-        /** The rows behind the numbered ones: for an instance that is looked at, its bases; those of arguments. */
+        /** The rows behind the numbered ones: an instance that is looked at, bases, and those that are kept for a while. */
         static final int OWN = NUMBERED;
         static final int CHAIN = OWN + 1;
         static final int TAKEN = CHAIN + Look.STEPS;
         static final int LINE = TAKEN + Functions.EACH;
         static final int WALKED = LINE + Look.STEPS;
         static final int OTHER = WALKED + 1;
-        private static final int MADE = OTHER + 2;
+        static final int OPENED = OTHER + 2;
+        private static final int MADE = OPENED + Look.MOST_OPEN;
         private static final int ROWS = MADE + 1;
 
         /** The frames of what parameters stand for. */
@@ -592,6 +602,7 @@ public final class Overloadery {
         final int[] tokens = new int[ROWS * WIDTH];
         /** For each place where a type begins, the place behind it. */
         final int[] ends = new int[ROWS * WIDTH];
+        private final int[] spots = new int[LARGEST];
         /** The places of what the parameters stand for, NONE for nothing. */
         final int[] bound = new int[FRAMES * PARAMETERS];
         /** The words of the type that was packed last. */
@@ -655,21 +666,28 @@ public final class Overloadery {
 
         /** Finds the ends of all types in a row, the last one first. */
         private void parse(int from, int end) {
+            int last = end;
             for (int at = end - 1; at >= from; at--) {
                 int token = tokens[at];
-                if (token < POINTER) ends[at] = at + 1;
-                else ends[at] = token < TWOFOLD ? ends[at + 1] : ends[ends[at + 1]];
+                if (token < POINTER) last = at + 1;
+                else if (token >= TWOFOLD) last = ends[last];
+                ends[at] = last;
             }
         }
 
+        /** Copies a type with its ends, and tells the place behind it. */
         private int copied(int from, int to) {
             int length = ends[from] - from;
-            System.arraycopy(tokens, from, tokens, to, length);
+            int shift = to - from;
+            for (int i = 0; i < length; i++) {
+                tokens[to + i] = tokens[from + i];
+                ends[to + i] = ends[from + i] + shift;
+            }
             return to + length;
         }
 
         void copyRow(int place, int row) {
-            parse(row * WIDTH, copied(place, row * WIDTH));
+            copied(place, row * WIDTH);
         }
 
         boolean isSame(int place, int other) {
@@ -704,26 +722,32 @@ public final class Overloadery {
 
         void pack(int place) {
             int size = ends[place] - place;
-            first = 0;
-            second = 0;
-            third = 0;
-            for (int i = Math.min(size, WORD) - 1; i >= 0; i--) {
-                first = first << BITS | tokens[place + i];
+            long word = 0;
+            for (int i = place + Math.min(size, WORD) - 1; i >= place; i--) {
+                word = word << BITS | tokens[i];
             }
-            for (int i = Math.min(size, TWO_WORDS) - 1; i >= WORD; i--) {
-                second = second << BITS | tokens[place + i];
+            first = word;
+            word = 0;
+            for (int i = place + Math.min(size, TWO_WORDS) - 1; i >= place + WORD; i--) {
+                word = word << BITS | tokens[i];
             }
-            for (int i = size - 1; i >= TWO_WORDS; i--) {
-                third = third << BITS | tokens[place + i];
+            second = word;
+            word = 0;
+            for (int i = place + size - 1; i >= place + TWO_WORDS; i--) {
+                word = word << BITS | tokens[i];
             }
+            third = word;
         }
 
         void unpack(long one, long two, long three, int row) {
             int at = row * WIDTH;
             int left = 1;
+            long word = one;
             for (int i = 0; i < LARGEST && left > 0; i++) {
-                long word = i < WORD ? one : i < TWO_WORDS ? two : three;
-                int token = (int) (word >>> BITS * (i % WORD)) & TOKEN;
+                if (i == WORD) word = two;
+                if (i == TWO_WORDS) word = three;
+                int token = (int) word & TOKEN;
+                word >>>= BITS;
                 tokens[at++] = token;
                 left += token < POINTER ? -1 : token < TWOFOLD ? 0 : 1;
             }
@@ -748,7 +772,7 @@ public final class Overloadery {
                 int end = ends[number * WIDTH];
                 for (int j = number * WIDTH; j < end; j++) {
                     int token = tokens[j];
-                    if (!isParameter(token)) {
+                    if (token < PARAMETER || token >= POINTER) {
                         if (tokens[at++] != token) return false;
                         continue;
                     }
@@ -774,21 +798,28 @@ public final class Overloadery {
         boolean builds(int frame, int number, int row) {
             int at = row * WIDTH;
             int last = at + LARGEST;
-            int end = ends[number * WIDTH];
-            for (int i = number * WIDTH; i < end; i++) {
-                int from = i;
-                int to = i + 1;
-                if (isParameter(tokens[i])) {
-                    from = bound[frame * PARAMETERS + tokens[i] - PARAMETER];
-                    if (from == NONE) return false;
-                    to = ends[from];
+            int from = number * WIDTH;
+            int end = ends[from];
+            for (int i = from; i < end; i++) {
+                int token = tokens[i];
+                boolean isParameter = token >= PARAMETER && token < POINTER;
+                int place = isParameter ? bound[frame * PARAMETERS + token - PARAMETER] : i;
+                if (place == NONE) return false;
+                int length = isParameter ? ends[place] - place : 1;
+                if (at + length > last) return false;
+                spots[i - from] = at;
+                for (int j = 0; j < length; j++) {
+                    tokens[at + j] = tokens[place + j];
+                    ends[at + j] = ends[place + j] + at - place;
                 }
-                if (at + to - from > last) return false;
-                for (; from < to; from++) {
-                    tokens[at++] = tokens[from];
-                }
+                at += length;
             }
-            parse(row * WIDTH, at);
+            // The ends of what was copied are known; the others are those of what they are made of now.
+            for (int i = end - 1; i >= from; i--) {
+                int spot = spots[i - from];
+                if (tokens[i] < POINTER) continue;
+                ends[spot] = tokens[i] < TWOFOLD ? ends[spot + 1] : ends[ends[spot + 1]];
+            }
             return true;
         }
 
@@ -817,12 +848,15 @@ public final class Overloadery {
         private static final int ROW = 2;
         private static final int FITTINGS = 1 << EACH;
         private static final int SETS = TEMPLATES * EACH + Functions.FUNCTIONS;
-        /** What a parameter can stand for, as bits. */
+        /** What a parameter can stand for, as bits; and what each token is, the last one standing for nothing. */
         private static final int POINTERS = 1;
         private static final int CLASSES = 2;
         private static final int BASICS = 4;
         private static final int ANYTHING = 15;
-        private static final int UNBOUND = 8;
+        private static final int NOTHING_THERE = 31;
+        private static final int[] KINDS = {
+            4, 4, 4, 4, 4, 2, 2, 2, 2, 2, 2, 2, 2, 2, 2, 2, 2, 0, 0, 0, 1, 2, 2, 2, 2, 2, 2, 2, 2, 2, 2, 8,
+        };
 
         private final Types types;
         private final Hierarchy hierarchy;
@@ -845,6 +879,8 @@ public final class Overloadery {
         private final int[] ends = new int[(Look.STEPS + 1) * TEMPLATES];
         /** For each number of steps by which an instance was come to, the classes to which it can lead at most, as bits. */
         private final int[] led = new int[(Look.STEPS + 1) * TEMPLATES];
+        /** The classes to which a type can lead at most that begins with a token, as bits. */
+        private final int[] reach = new int[NOTHING_THERE + 1];
         /** The classes and templates that can be met by way of an instance, as bits. */
         private final int[] behind = new int[TEMPLATES];
         private int changes;
@@ -890,13 +926,23 @@ public final class Overloadery {
             return constraintCounts[set];
         }
 
-        /** Whether a parameter can stand for what begins so, NONE for nothing. */
-        boolean suits(int set, int parameter, int head) {
-            int kind = CLASSES;
-            if (head == NONE) kind = UNBOUND;
-            else if (head == Types.POINTER) kind = POINTERS;
-            else if (Types.isBasic(head)) kind = BASICS;
-            return (allowed[set * PARAMETERS + parameter] & kind) != 0;
+        /** Whether the constraints of a set hold for what is matched, as far as its kind tells it. */
+        int fits(int frame, int set) {
+            int fits = Look.YES;
+            for (int i = 0; i < PARAMETERS; i++) {
+                int place = types.bound[frame * PARAMETERS + i];
+                int head = place == NONE ? NOTHING_THERE : types.tokens[place];
+                if ((allowed[set * PARAMETERS + i] & KINDS[head]) == 0) return Look.NO;
+                int classes = wanted[set * PARAMETERS + i];
+                if ((classes & ~reach[head]) != 0) return Look.NO;
+                if (classes != 0 && head >= Types.SINGLE) fits = Look.OPEN;
+            }
+            return fits;
+        }
+
+        /** Whether a parameter can stand for what begins so. */
+        private boolean suits(int set, int parameter, int head) {
+            return (allowed[set * PARAMETERS + parameter] & KINDS[head]) != 0;
         }
 
         /** The classes to which an instance that was come to by some steps can lead at most, as bits. */
@@ -1034,6 +1080,13 @@ public final class Overloadery {
                 for (int i = 0; i < count; i++) {
                     led[step * TEMPLATES + i] = foundLed(i, step);
                 }
+            }
+            for (int i = 0; i < hierarchy.count(); i++) {
+                reach[Types.CLASS + i] = hierarchy.led(i, 0);
+            }
+            for (int i = 0; i < count; i++) {
+                reach[Types.SINGLE + i] = led[i];
+                reach[Types.TWOFOLD + i] = led[i];
             }
         }
 
@@ -1328,6 +1381,18 @@ public final class Overloadery {
             return false;
         }
 
+        /**
+         * The steps to a base from a class that was come to by some steps; NONE if it is no class or no base, SEVERAL if
+         * there are several parts of it.
+         */
+        int stepsFrom(int cls, int base, int step) {
+            if (base < 0 || base >= count) return NONE;
+            int more = steps[cls * CLASSES + base];
+            if (more == NONE) return NONE;
+            if ((led[step * CLASSES + cls] >> base & 1) == 1) return step + more;
+            return step == 0 ? SEVERAL : NONE;
+        }
+
         private void findLed(int cls) {
             for (int step = 0; step <= Look.STEPS; step++) {
                 int all = 0;
@@ -1453,6 +1518,7 @@ public final class Overloadery {
         private static final int TO_AT = 8;
         private static final int MAP_AT = 30;
         private static final int STRICT_AT = 48;
+        private static final int HELD_AT = 49;
         private static final int PLACES = (1 << 22) - 1;
         private static final int MAPS = (1 << 18) - 1;
         /** The marks: the walk that came to it, when, whether it has left it, whether that was told earlier; and a place. */
@@ -1465,7 +1531,8 @@ public final class Overloadery {
         private static final int TIMES = (1 << 21) - 1;
 
         /** No bounds of the document: those of the room in which the program lives. */
-        private static final int FEW = 1 << 6;
+        private static final int FEW = 1 << 9;
+        private static final int SPARE = 1 << 8;
         private static final int MORE = 5;
         static final int MOST = 1 << 19;
         private static final int CROWD = MOST - MOST / 4;
@@ -1503,7 +1570,7 @@ public final class Overloadery {
         static int image(int map, int set) {
             int all = 0;
             for (int i = 0; i < BODIES; i++) {
-                int code = mapped(map, i);
+                int code = map >> i * CODE & NOWHERE;
                 if ((set >> i & 1) == 1 && code != NOWHERE) all |= 1 << code;
             }
             return all;
@@ -1513,7 +1580,7 @@ public final class Overloadery {
         static int origin(int map, int set) {
             int all = 0;
             for (int i = 0; i < BODIES; i++) {
-                int code = mapped(map, i);
+                int code = map >> i * CODE & NOWHERE;
                 if (code != NOWHERE && (set >> code & 1) == 1) all |= 1 << i;
             }
             return all;
@@ -1523,8 +1590,8 @@ public final class Overloadery {
         static int chained(int map, int inner) {
             int all = 0;
             for (int i = 0; i < BODIES; i++) {
-                int code = mapped(inner, i);
-                all |= (code == NOWHERE ? NOWHERE : mapped(map, code)) << i * CODE;
+                int code = inner >> i * CODE & NOWHERE;
+                all |= (code == NOWHERE ? NOWHERE : map >> code * CODE & NOWHERE) << i * CODE;
             }
             return all;
         }
@@ -1536,9 +1603,10 @@ public final class Overloadery {
             return mixed ^ mixed >>> 32;
         }
 
-        int find(long one, long two, long three) {
+        /** The place of an instance that is told by its words, and by what tells it apart; NONE if it is not there. */
+        int find(long one, long two, long three, long mixed) {
             int mask = index.length - 1;
-            int at = (int) mixed(one, two, three) & mask;
+            int at = (int) mixed & mask;
             for (int i = 0; i <= mask && index[at] != 0; i++) {
                 int row = (index[at] - 1) * ROW;
                 if (rows[row] == one && rows[row + 1] == two && rows[row + 2] == three) return index[at] - 1;
@@ -1549,35 +1617,84 @@ public final class Overloadery {
 
         /** Puts an instance that is not there yet; NONE if there is no room. */
         int put(long one, long two, long three, int set) {
-            if (count >= MOST) return NONE;
-            if ((count + 1) * ROW > rows.length) grow();
             int row = count * ROW;
+            if (row + ROW > rows.length) return NONE;
             rows[row] = one;
             rows[row + 1] = two;
             rows[row + 2] = three;
             rows[row + STATE] = set;
             rows[row + MARKS] = 0;
-            enter(count);
+            enter(count, mixed(one, two, three));
             return count++;
         }
 
-        private void enter(int id) {
+        private void enterAll() {
+            for (int i = 0; i < count; i++) {
+                enter(i, mixed(rows[i * ROW], rows[i * ROW + 1], rows[i * ROW + 2]));
+            }
+        }
+
+        private void enter(int id, long mixed) {
             int mask = index.length - 1;
-            int row = id * ROW;
-            int at = (int) mixed(rows[row], rows[row + 1], rows[row + 2]) & mask;
+            int at = (int) mixed & mask;
             for (int i = 0; i <= mask && index[at] != 0; i++) {
                 at = at + 1 & mask;
             }
             index[at] = id + 1;
         }
 
-        private void grow() {
-            int next = Math.min(MOST, rows.length / ROW << MORE);
+        /** Makes room for as many as are put at once. */
+        void makeRoom() {
+            int most = rows.length / ROW;
+            if (count + SPARE <= most || most >= MOST) return;
+            int next = Math.min(MOST, most << MORE);
             rows = Arrays.copyOf(rows, next * ROW);
             index = new int[next * 2];
-            for (int i = 0; i < count; i++) {
-                enter(i);
+            enterAll();
+        }
+
+        /** Whether there may be no room for as many as are put at once. */
+        boolean isFull() {
+            return count + SPARE > MOST;
+        }
+
+        /** Marks an instance, and that to which it is bound, as one that is not shed. */
+        void hold(int id) {
+            rows[id * ROW + STATE] |= 1L << HELD_AT;
+            int to = (int) (rows[id * ROW + STATE] >> TO_AT) & PLACES;
+            if (isBound(id)) rows[to * ROW + STATE] |= 1L << HELD_AT;
+        }
+
+        /** Sheds all instances that are not held. The others get new places, which are told by moved() until remember(). */
+        void shed() {
+            Arrays.fill(index, NONE);
+            int left = 0;
+            for (int id = 0; id < count; id++) {
+                if ((rows[id * ROW + STATE] >> HELD_AT & 1) == 0) continue;
+                index[id] = left;
+                for (int i = 0; i < ROW; i++) {
+                    rows[left * ROW + i] = rows[id * ROW + i];
+                }
+                left++;
             }
+            count = left;
+            for (int id = 0; id < count; id++) {
+                long state = rows[id * ROW + STATE] & ~(1L << HELD_AT);
+                int to = (int) (state >> TO_AT) & PLACES;
+                int next = isBound(id) ? index[to] : NONE;
+                if (next != NONE) state = state & ~((long) PLACES << TO_AT) | (long) next << TO_AT;
+                rows[id * ROW + STATE] = isBound(id) && next == NONE ? ALL : state;
+            }
+        }
+
+        int moved(int id) {
+            return index[id];
+        }
+
+        /** Lets all instances be found again after they were moved. */
+        void remember() {
+            Arrays.fill(index, 0);
+            enterAll();
         }
 
         /** Forgets all instances; the last ones first, so that those ahead of them are still found. */
@@ -1647,20 +1764,31 @@ public final class Overloadery {
         /** The one to which an instance is bound by one or more maps, or itself; how is told by map(). */
         int follow(int id) {
             int at = id;
-            map = SAME;
+            int all = SAME;
             int hops = 0;
-            for (; hops < MOST && isBound(at); hops++) {
-                long state = rows[at * ROW + STATE];
-                map = chained(map, (int) (state >> MAP_AT) & MAPS);
+            long state = rows[id * ROW + STATE];
+            for (; hops < MOST && (state >> BOUND_AT & 1) == 1; hops++) {
+                int next = 0;
+                for (int i = 0; i < BODIES; i++) {
+                    int code = (int) (state >> MAP_AT + i * CODE) & NOWHERE;
+                    next |= (code == NOWHERE ? NOWHERE : all >> code * CODE & NOWHERE) << i * CODE;
+                }
+                all = next;
                 at = (int) (state >> TO_AT) & PLACES;
+                state = rows[at * ROW + STATE];
             }
-            if (hops > 0 && image(map, set(at)) == 0) {
+            boolean isTold = (state >> SETTLED_AT & 1) == 0;
+            for (int i = 0; i < BODIES && !isTold; i++) {
+                isTold = (state >> i & 1) == 1 && (all >> i * CODE & NOWHERE) != NOWHERE;
+            }
+            if (!isTold) {
                 // The other one was settled otherwise than by what it was bound with.
                 rows[id * ROW + STATE] = ALL;
-                map = SAME;
-                return id;
+                all = SAME;
+                at = id;
             }
-            if (hops > 1) bind(id, at, map);
+            if (isTold && hops > 1) rows[id * ROW + STATE] = 1L << BOUND_AT | (long) at << TO_AT | (long) all << MAP_AT;
+            map = all;
             return at;
         }
 
@@ -1745,11 +1873,13 @@ public final class Overloadery {
 
         /** The guesses on which the body of an instance depends, as bits. */
         long reasons(int id) {
-            return isMember(id) ? reasons[place(id)] : 0;
+            int place = (int) (rows[id * ROW + MARKS] >> PLACE_AT);
+            return place < members && memberRow[place] == id ? reasons[place] : 0;
         }
 
+        /** The same for one that is a member. */
         void putReasons(int id, long guesses) {
-            if (isMember(id)) reasons[place(id)] = guesses;
+            reasons[(int) (rows[id * ROW + MARKS] >> PLACE_AT)] = guesses;
         }
     }
 
@@ -1760,18 +1890,31 @@ public final class Overloadery {
     private static final class Look {
         static final int STEPS = 6;
         /** Whether a constraint holds. */
-        private static final int NO = 0;
-        private static final int YES = 1;
-        private static final int OPEN = 2;
+        static final int NO = 0;
+        static final int YES = 1;
+        static final int OPEN = 2;
+        private static final int OPEN_STEPS = -3;
+        private static final int PATHS = 1 << 18;
 
         /** How many bodies are supposed at once, and how often; what needs more must be found in parts. */
         static final int MOST = 40;
+        static final int MOST_OPEN = Templates.EACH * PARAMETERS;
         private static final int RUNS = 1 << 10;
         private static final int WORDS = 3;
         private static final int SET = 1;
         private static final int SUPPOSED = 2;
         private static final int ROW = 3;
-        private static final int ASKED = 3;
+        /**
+         * A constraint that is open: the specialisation, the classes to which a type must lead, the place of the one on the
+         * way whose body is not known, how many steps there are to it, for whom something is supposed there, and how that
+         * tells its body.
+         */
+        private static final int CLASSES = 1;
+        private static final int PLACE = 2;
+        private static final int STEP = 3;
+        private static final int STOP = 4;
+        private static final int MAP = 5;
+        private static final int ASKED = 6;
         /** A body as a set, once for each body that can be supposed of another one. */
         private static final long FOR_ALL = 1 | 1 << 6 | 1 << 12 | 1 << 18 | 1 << 24 | 1L << 30;
 
@@ -1790,10 +1933,16 @@ public final class Overloadery {
         private final int[] supposals = new int[MOST * 2];
         private int supposed;
         private boolean doesSuppose;
+        private boolean isCareful;
         private boolean isOver;
-        /** The constraints that are open: the specialisation, the place of the type, and the classes to which it must lead. */
-        private final int[] asked = new int[Templates.EACH * PARAMETERS * ASKED];
+        private final int[] asked = new int[MOST_OPEN * ASKED];
         private int open;
+        /** Where it was not known to what a type leads. */
+        private int reached;
+        private int reachedStep;
+        /** The instances on a way to bases, and the bodies that are left to go by. */
+        private final int[] places = new int[STEPS + 1];
+        private final int[] bodies = new int[STEPS + 1];
         /** What was found of the one that was looked at: its bodies; for each body of the only other one, its own ones. */
         private int template;
         private int sure;
@@ -1872,12 +2021,13 @@ public final class Overloadery {
             return map;
         }
 
-        /** Begins a question about several instances. */
-        void begin() {
+        /** Begins a question about several instances; a careful one supposes nothing where it does not matter. */
+        void begin(boolean isCareful) {
             templates.findEnds();
             aim(NONE, NONE, NONE, NONE);
             forget();
             doesSuppose = true;
+            this.isCareful = isCareful;
         }
 
         private void forget() {
@@ -1905,28 +2055,32 @@ public final class Overloadery {
             aim(words[at * WORDS], words[at * WORDS + 1], words[at * WORDS + 2], rows[at * ROW]);
         }
 
-        /** Looks at the one at which it is aimed. */
+        /** Looks at the one at which it is aimed; once more with care if too much is to be supposed. */
         void look() {
             looks++;
-            forget();
-            doesSuppose = false;
             types.unpack(words[0], words[1], words[2], Types.OWN);
             int own = Types.OWN * Types.WIDTH;
             template = Types.templateOf(types.tokens[own]);
-            isStrict = false;
-            open = 0;
-            sure = 0;
-            int maybe = 0;
-            int rest = (1 << templates.specialisations(template)) - 1;
-            set = templates.possible(template, sure, rest);
-            for (int i = 0; i < templates.specialisations(template) && !Instances.isSingle(set); i++) {
-                rest &= ~(1 << i);
-                int fits = fitsOwn(i, own);
-                if (fits == YES) sure |= 1 << i;
-                if (fits == OPEN) maybe |= 1 << i;
-                set = templates.possible(template, sure, maybe | rest);
+            isOver = true;
+            for (int turn = 0; turn < 2 && isOver; turn++) {
+                forget();
+                isCareful = turn > 0;
+                doesSuppose = false;
+                isStrict = false;
+                open = 0;
+                sure = 0;
+                int maybe = 0;
+                int rest = (1 << templates.specialisations(template)) - 1;
+                set = templates.possible(template, sure, rest);
+                for (int i = 0; i < templates.specialisations(template) && !Instances.isSingle(set); i++) {
+                    rest &= ~(1 << i);
+                    int fits = fitsOwn(i, own);
+                    if (fits == YES) sure |= 1 << i;
+                    if (fits == OPEN) maybe |= 1 << i;
+                    set = templates.possible(template, sure, maybe | rest);
+                }
+                if (!Instances.isSingle(set)) suppose(maybe);
             }
-            if (!Instances.isSingle(set)) suppose(maybe);
         }
 
         /** Whether a specialisation fits the one that is looked at, for what is known; what is open is noted. */
@@ -1936,46 +2090,40 @@ public final class Overloadery {
             types.empty(Types.FITTING);
             if (!types.matches(Types.FITTING, pattern, second, own + 1)) return NO;
             int constraints = Templates.place(template, specialisation);
-            int fits = fits(Types.FITTING, constraints);
+            int fits = templates.fits(Types.FITTING, constraints);
             if (fits != OPEN) return fits;
             int before = open;
+            int stopsBefore = stops;
             for (int i = 0; i < PARAMETERS; i++) {
                 int classes = templates.wanted(constraints, i);
                 if (classes == 0) continue;
                 int place = types.bound[Types.FITTING * PARAMETERS + i];
-                int leads = leads(place, classes);
+                int leads = isCareful ? byAll(place, classes, NONE) : leads(place, 0, classes);
                 if (leads == NO) {
                     open = before;
+                    stops = stopsBefore;
                     return NO;
                 }
-                if (leads == OPEN) {
-                    asked[open * ASKED] = specialisation;
-                    asked[open * ASKED + 1] = place;
-                    asked[open * ASKED + 2] = classes;
-                    open++;
-                }
+                if (leads == OPEN && isCareful) leads(place, 0, classes);
+                if (leads == OPEN) noteOpen(specialisation, classes);
             }
             return open == before ? YES : OPEN;
         }
 
-        /** Whether the constraints of a set hold for what is matched, as far as its kind tells it. */
-        private int fits(int frame, int constraints) {
-            int fits = YES;
-            for (int i = 0; i < PARAMETERS; i++) {
-                int place = types.bound[frame * PARAMETERS + i];
-                int head = place == NONE ? NONE : types.tokens[place];
-                if (!templates.suits(constraints, i, head)) return NO;
-                int classes = templates.wanted(constraints, i);
-                if (classes == 0) continue;
-                if (Types.isClass(head)) {
-                    if (!hierarchy.leads(head - Types.CLASS, classes, 0)) return NO;
-                } else if ((classes & ~templates.led(Types.templateOf(head), 0)) != 0) {
-                    return NO;
-                } else {
-                    fits = OPEN;
-                }
+        private void noteOpen(int specialisation, int classes) {
+            int row = open * ASKED;
+            asked[row] = specialisation;
+            asked[row + CLASSES] = classes;
+            asked[row + STEP] = reachedStep;
+            asked[row + STOP] = stopOfDecider();
+            asked[row + MAP] = map;
+            asked[row + PLACE] = reached;
+            if (reachedStep > 0) {
+                // What is asked next writes its bases to the same rows.
+                types.copyRow(reached, Types.OPENED + open);
+                asked[row + PLACE] = (Types.OPENED + open) * Types.WIDTH;
             }
-            return fits;
+            open++;
         }
 
         /** Finds the bodies by supposing, one after another, all bodies of those on which they depend. */
@@ -1992,24 +2140,33 @@ public final class Overloadery {
                     int specialisation = asked[i * ASKED];
                     boolean holds = true;
                     for (; i < open && asked[i * ASKED] == specialisation; i++) {
-                        holds = holds && leads(asked[i * ASKED + 1], asked[i * ASKED + 2]) == YES;
+                        int row = i * ASKED;
+                        if (!holds) continue;
+                        int body = Instances.mapped(asked[row + MAP], supposedAt(asked[row + STOP]));
+                        int at = baseAt(asked[row + PLACE], body, Types.CHAIN + asked[row + STEP]);
+                        holds = at != NONE && leads(at, asked[row + STEP] + 1, asked[row + CLASSES]) == YES;
                     }
                     rest &= ~(1 << specialisation);
                     if (holds) fitting |= 1 << specialisation;
                     possible = templates.possible(template, fitting, rest);
                 }
-                int own = rows[SUPPOSED];
-                if (own == NONE || (possible >> own & 1) == 1) {
-                    all |= possible;
-                    int other = stops > 1 ? rows[ROW + SUPPOSED] : NONE;
-                    byOther |= other == NONE ? FOR_ALL * possible : (long) possible << other * Instances.BODIES;
-                } else {
-                    isStrict = true;
-                }
+                noteRun(possible);
+                all |= rows[SUPPOSED] == NONE ? possible : possible & 1 << rows[SUPPOSED];
                 goesOn = advances();
             }
             if (goesOn) isOver = true;
             if (!isOver) set = all;
+        }
+
+        /** Notes which body follows from what is supposed of the only other one; if it can't be, it must not be supposed. */
+        private void noteRun(int possible) {
+            int own = rows[SUPPOSED];
+            if (own != NONE && (possible >> own & 1) == 0) {
+                isStrict = true;
+                return;
+            }
+            int other = stops > 1 ? rows[ROW + SUPPOSED] : NONE;
+            byOther |= other == NONE ? FOR_ALL * possible : (long) possible << other * Instances.BODIES;
         }
 
         /** Goes on to suppose something else; false if there is nothing else. */
@@ -2029,21 +2186,29 @@ public final class Overloadery {
             return false;
         }
 
-        /** Whether a type leads to all these classes, which are bits; OPEN if it is not known and nothing is supposed. */
-        int leads(int type, int classes) {
+        /**
+         * Whether a type that was come to by some steps leads to all these classes, which are bits; OPEN if it is not known
+         * and nothing is supposed.
+         */
+        int leads(int type, int steps, int classes) {
             int at = type;
-            for (int step = 0; step < STEPS; step++) {
+            for (int step = steps; step <= STEPS; step++) {
                 int head = types.tokens[at];
                 if (Types.isClass(head)) return hierarchy.leads(head - Types.CLASS, classes, step) ? YES : NO;
-                if (!Types.isInstance(head)) return NO;
+                if (!Types.isInstance(head) || step == STEPS) return NO;
                 if ((classes & ~templates.led(Types.templateOf(head), step)) != 0) return NO;
                 int bodies = setAt(at);
-                if (!Instances.isSingle(bodies) && !doesSuppose) return OPEN;
-                at = baseAt(at, supposedOf(bodies), Types.CHAIN + step);
+                if (!Instances.isSingle(bodies) && !doesSuppose) {
+                    reached = at;
+                    reachedStep = step;
+                    return OPEN;
+                }
+                boolean isKnown = Instances.isSingle(bodies);
+                int body = isKnown ? Instances.code(bodies) : Instances.mapped(map, supposedAt(stopOfDecider()));
+                at = baseAt(at, body, Types.CHAIN + step);
                 if (at == NONE) return NO;
             }
-            int head = types.tokens[at];
-            return Types.isClass(head) && hierarchy.leads(head - Types.CLASS, classes, STEPS) ? YES : NO;
+            return NO;
         }
 
         /**
@@ -2051,12 +2216,14 @@ public final class Overloadery {
          * something is supposed.
          */
         int steps(int type, int target) {
+            int all = isCareful ? byAll(type, 0, target) : OPEN_STEPS;
+            if (all != OPEN_STEPS) return all;
             int at = type;
             int aim = types.tokens[target];
             for (int step = 0; step <= STEPS && at != NONE; step++) {
                 if (types.isSame(at, target)) return step;
                 int head = types.tokens[at];
-                if (Types.isClass(head)) return classSteps(head, aim, step);
+                if (Types.isClass(head)) return hierarchy.stepsFrom(head - Types.CLASS, aim - Types.CLASS, step);
                 if (!Types.isInstance(head) || step == STEPS) return NONE;
                 boolean mayLead = !Types.isClass(aim)
                         || (templates.led(Types.templateOf(head), step) >> aim - Types.CLASS & 1) == 1;
@@ -2066,25 +2233,62 @@ public final class Overloadery {
             return NONE;
         }
 
-        /** The same as steps, from a class that was come to by some steps. */
-        private int classSteps(int head, int target, int step) {
-            if (!Types.isClass(target)) return NONE;
-            int cls = head - Types.CLASS;
-            int base = target - Types.CLASS;
-            int steps = hierarchy.steps(cls, base);
-            if (steps == NONE || hierarchy.leads(cls, 1 << base, step)) return steps == NONE ? NONE : step + steps;
-            return step == 0 ? SEVERAL : NONE;
-        }
-
         /** Whether the constraints of a set hold for what is matched; for that something is supposed. */
         boolean areMet(int frame, int constraints) {
-            if (fits(frame, constraints) == NO) return false;
+            if (templates.fits(frame, constraints) == NO) return false;
             for (int i = 0; i < PARAMETERS; i++) {
                 int classes = templates.wanted(constraints, i);
                 int place = types.bound[frame * PARAMETERS + i];
-                if (classes != 0 && leads(place, classes) != YES) return false;
+                if (classes == 0) continue;
+                int leads = isCareful ? byAll(place, classes, NONE) : OPEN;
+                if (leads == OPEN) leads = leads(place, 0, classes);
+                if (leads != YES) return false;
             }
             return true;
+        }
+
+        /**
+         * Whether a type leads to some classes, or how many steps there are to a target, if it is the same by all bases that
+         * instances may have; otherwise OPEN, or OPEN_STEPS.
+         */
+        private int byAll(int type, int classes, int target) {
+            int open = target == NONE ? OPEN : OPEN_STEPS;
+            int found = open;
+            int step = 0;
+            places[0] = type;
+            bodies[0] = Types.isInstance(types.tokens[type]) ? setAt(type) : 0;
+            if (bodies[0] == 0 || target != NONE && types.isSame(type, target)) return open;
+            for (int i = 0; i < PATHS && step >= 0; i++) {
+                if (bodies[step] == 0) {
+                    step--;
+                    continue;
+                }
+                int body = Instances.code(bodies[step]);
+                bodies[step] &= bodies[step] - 1;
+                int base = baseAt(places[step], body, Types.CHAIN + step);
+                boolean isInstance = base != NONE && Types.isInstance(types.tokens[base]) && step + 1 < STEPS;
+                boolean isThere = base != NONE && target != NONE && types.isSame(base, target);
+                if (isInstance && !isThere) {
+                    step++;
+                    places[step] = base;
+                    bodies[step] = setAt(base);
+                    continue;
+                }
+                int leads = base == NONE ? target == NONE ? NO : NONE : endOf(base, step + 1, classes, target);
+                if (found != open && leads != found) return open;
+                found = leads;
+            }
+            return step < 0 ? found : open;
+        }
+
+        private int endOf(int type, int step, int classes, int target) {
+            int head = types.tokens[type];
+            if (target != NONE) {
+                if (types.isSame(type, target)) return step;
+                int base = types.tokens[target] - Types.CLASS;
+                return Types.isClass(head) ? hierarchy.stepsFrom(head - Types.CLASS, base, step) : NONE;
+            }
+            return Types.isClass(head) && hierarchy.leads(head - Types.CLASS, classes, step) ? YES : NO;
         }
 
         /** The bodies that an instance at a place can have, for what is known. */
@@ -2096,7 +2300,7 @@ public final class Overloadery {
                 int second = templates.pattern(template, i, 1);
                 types.empty(Types.PART);
                 if (!types.matches(Types.PART, templates.pattern(template, i, 0), second, place + 1)) continue;
-                int fits = fits(Types.PART, Templates.place(template, i));
+                int fits = templates.fits(Types.PART, Templates.place(template, i));
                 if (fits == YES) sure |= 1 << i;
                 if (fits == OPEN) maybe |= 1 << i;
             }
@@ -2106,7 +2310,8 @@ public final class Overloadery {
             deciding = all;
             if (Instances.isSingle(all)) return all;
             types.pack(place);
-            int id = instances.find(types.first, types.second, types.third);
+            long mixed = Instances.mixed(types.first, types.second, types.third);
+            int id = instances.find(types.first, types.second, types.third, mixed);
             if (id == NONE) return all;
             decider = instances.follow(id);
             map = instances.map();
@@ -2119,20 +2324,23 @@ public final class Overloadery {
         /** The body of the instance whose bodies were asked for last: the only one, or that which is supposed. */
         int supposedOf(int bodies) {
             if (Instances.isSingle(bodies)) return Instances.code(bodies);
-            int stop = stopOfDecider();
+            return Instances.mapped(map, supposedAt(stopOfDecider()));
+        }
+
+        /** The body that is supposed, the first one if there is none yet. */
+        private int supposedAt(int stop) {
             if (stop == NONE) {
                 isOver = true;
                 return Instances.UNSURE;
             }
             int row = stop * ROW;
             if (rows[row + SUPPOSED] == NONE) {
-                rows[row + SET] = deciding;
-                rows[row + SUPPOSED] = Instances.code(deciding);
+                rows[row + SUPPOSED] = Instances.code(rows[row + SET]);
                 supposals[supposed * 2] = stop;
-                supposals[supposed * 2 + 1] = deciding & deciding - 1;
+                supposals[supposed * 2 + 1] = rows[row + SET] & rows[row + SET] - 1;
                 supposed++;
             }
-            return Instances.mapped(map, rows[row + SUPPOSED]);
+            return rows[row + SUPPOSED];
         }
 
         private int stopOfDecider() {
@@ -2142,7 +2350,9 @@ public final class Overloadery {
             long three = isKept ? instances.word(decider, 2) : types.third;
             for (int i = 0; i < stops; i++) {
                 int at = i * WORDS;
-                if (words[at] == one && words[at + 1] == two && words[at + 2] == three) return i;
+                if (words[at] != one || words[at + 1] != two || words[at + 2] != three) continue;
+                rows[i * ROW + SET] = deciding;
+                return i;
             }
             if (stops == MOST) return NONE;
             words[stops * WORDS] = one;
@@ -2174,8 +2384,9 @@ public final class Overloadery {
         }
 
         /** What is asked of an instance, or of two types, for what is supposed; a base by what tells it apart. */
-        long answer(int kind, int place, int other) {
-            if (kind == DISTANCE) return steps(place, other);
+        long outcome(int kind, int type, int other) {
+            int place = type * Types.WIDTH;
+            if (kind == DISTANCE) return steps(place, other * Types.WIDTH);
             int body = supposedOf(setAt(place));
             if (kind == BODY) return body;
             int base = baseAt(place, body, Types.OTHER);
@@ -2202,10 +2413,12 @@ public final class Overloadery {
         private static final int TRY = 3;
         private static final int GO_ON = 4;
         private static final int END_WALK = 5;
-        private static final int GATHER_ON = 6;
-        private static final int END_GATHERING = 7;
-        private static final int END_TRY = 8;
-        private static final int DONE = 9;
+        private static final int START_GATHERING = 6;
+        private static final int GATHER_ON = 7;
+        private static final int END_GATHERING = 8;
+        private static final int START_TRY = 9;
+        private static final int END_TRY = 10;
+        private static final int DONE = 11;
 
         /** What is done at a level, one after another. */
         private static final int FORWARD = 0;
@@ -2248,8 +2461,9 @@ public final class Overloadery {
         private int stacked;
         private int gathered;
         private int seen;
-        /** Whether something was left out. */
+        /** Whether something was left out, and whether there was a choice where to go on. */
         private boolean isCut;
+        private boolean isForked;
         /** How many in a line were not kept, and what follows for the last one that was kept. */
         private int run;
         private int runMap;
@@ -2271,7 +2485,8 @@ public final class Overloadery {
                 instances.forget();
                 walk = 0;
             }
-            goal = instances.find(one, two, three);
+            instances.makeRoom();
+            goal = instances.find(one, two, three, Instances.mixed(one, two, three));
             if (goal == NONE) goal = instances.put(one, two, three, Instances.ALL);
             this.level = level;
             startWalk(FORWARD);
@@ -2284,8 +2499,10 @@ public final class Overloadery {
                     case TRY: if (ways.isDone()) phase = END_TRY; else ways.goOn(); break;
                     case GO_ON: goOn(); break;
                     case END_WALK: endWalk(); break;
+                    case START_GATHERING: startGathering(); break;
                     case GATHER_ON: gatherOn(); break;
                     case END_GATHERING: endGathering(); break;
+                    case START_TRY: startTry(); break;
                     default: endTry();
                 }
             }
@@ -2294,7 +2511,8 @@ public final class Overloadery {
 
         /** Lets an instance whose body could not be found have the one that it has if what is open does not hold. */
         void settleAtLeast(long one, long two, long three) {
-            int id = instances.find(one, two, three);
+            instances.makeRoom();
+            int id = instances.find(one, two, three, Instances.mixed(one, two, three));
             if (id == NONE) id = instances.put(one, two, three, Instances.ALL);
             if (id == NONE) return;
             look.aim(one, two, three, id);
@@ -2323,11 +2541,14 @@ public final class Overloadery {
             height = 0;
             stacked = 0;
             isCut = false;
+            isForked = false;
             limit = looksFrom(0);
         }
 
         /** Aims at the last one of the path, or finds what else is to be done. */
         private void goOn() {
+            instances.makeRoom();
+            if (instances.isFull() && plan != WITHIN) shed();
             if (height == 0) {
                 int first = instances.follow(goal);
                 boolean isNew = !isFound() && instances.walk(first) != walk;
@@ -2338,14 +2559,39 @@ public final class Overloadery {
         }
 
         private void endWalk() {
-            if (isFound() || plan == BACKWARD) phase = DONE;
-            else if (plan == FORWARD && isCut) startGathering(NEAR);
-            else startGathering(ALL);
+            boolean isEnd = plan == BACKWARD || plan == FORWARD && isCut && !isForked;
+            if (isFound() || isEnd) phase = DONE;
+            else gatherFor(plan == FORWARD && isCut ? NEAR : ALL);
+        }
+
+        private void gatherFor(int next) {
+            plan = next;
+            phase = START_GATHERING;
+        }
+
+        private void tryFor(int next) {
+            plan = next;
+            phase = START_TRY;
+        }
+
+        /** Sheds all instances from which it does not go on, so that there is room for others. */
+        private void shed() {
+            instances.hold(goal);
+            for (int i = 0; i < height + stacked; i++) {
+                instances.hold(path[i < height ? i : path.length - 1 - (i - height)]);
+            }
+            instances.shed();
+            goal = instances.moved(goal);
+            for (int i = 0; i < height + stacked; i++) {
+                int at = i < height ? i : path.length - 1 - (i - height);
+                path[at] = instances.moved(path[at]);
+            }
+            instances.remember();
         }
 
         private boolean mayEnter(int id) {
             boolean isNear = plan != WITHIN || id != NONE && instances.walk(id) == gathering;
-            boolean hasRoom = id != NONE || instances.count() < Instances.MOST;
+            boolean hasRoom = id != NONE || !instances.isFull();
             boolean may = isNear && hasRoom && look.looks() < limit;
             if (!may) isCut = true;
             return may;
@@ -2359,7 +2605,7 @@ public final class Overloadery {
 
         private void makeRoom(int least) {
             if (least <= path.length) return;
-            int[] longer = Arrays.copyOf(path, path.length << MORE);
+            int[] longer = Arrays.copyOf(path, Math.min(Instances.MOST + FEW, path.length << MORE));
             for (int i = 0; i < stacked; i++) {
                 longer[longer.length - 1 - i] = path[path.length - 1 - i];
             }
@@ -2391,13 +2637,8 @@ public final class Overloadery {
             height--;
             while (stacked > instances.place(top)) {
                 stacked--;
-                release(stackedAt(stacked));
+                instances.come(stackedAt(stacked), plan == WITHIN ? gathering : 0, 0, 0);
             }
-        }
-
-        /** Lets an instance be come to again. */
-        private void release(int id) {
-            instances.come(id, plan == WITHIN ? gathering : 0, 0, 0);
         }
 
         /** There is no body that goes for an instance: it is not sure, or that which was asked for if this depends on it. */
@@ -2501,6 +2742,7 @@ public final class Overloadery {
         /** Goes from an instance to the next one on which it depends; if there is none, leaves it. */
         private void goFrom(int top) {
             if (look.isOver()) isCut = true;
+            isForked = true;
             int next = NONE;
             int least = instances.time(top);
             for (int i = 1; i < look.stops(); i++) {
@@ -2535,16 +2777,14 @@ public final class Overloadery {
                 instances.leave(stackedAt(i));
                 doFit = doFit && instances.takes(stackedAt(i));
             }
-            if (!doFit || !instances.takes(top)) return;
-            phase = TRY;
-            ways.begin(top, false, looksFrom(instances.members() * 2));
+            if (doFit && instances.takes(top)) phase = START_TRY;
         }
 
         // ---- gathering
 
-        private void startGathering(int next) {
-            plan = next;
+        private void startGathering() {
             phase = GATHER_ON;
+            instances.makeRoom();
             gathering = ++walk;
             gathered = 0;
             seen = 0;
@@ -2552,11 +2792,11 @@ public final class Overloadery {
             isCut = false;
             limit = looksFrom(0);
             add(instances.follow(goal));
-            for (int i = 0; i < types.numbered() && next == WIDEST; i++) {
+            for (int i = 0; i < types.numbered() && plan == WIDEST; i++) {
                 int id = idOfNumbered(i);
                 if (id != NONE) add(instances.follow(id));
             }
-            for (int i = 0; i < instances.count() && next != NEAR; i++) {
+            for (int i = 0; i < instances.count() && plan != NEAR; i++) {
                 if (instances.isStrict(i)) add(i);
             }
         }
@@ -2565,7 +2805,8 @@ public final class Overloadery {
         private int idOfNumbered(int number) {
             if (!Types.isInstance(types.head(number)) || types.isOpen(number)) return NONE;
             types.pack(number * Types.WIDTH);
-            int id = instances.find(types.first, types.second, types.third);
+            long mixed = Instances.mixed(types.first, types.second, types.third);
+            int id = instances.find(types.first, types.second, types.third, mixed);
             return id != NONE ? id : instances.put(types.first, types.second, types.third, Instances.ALL);
         }
 
@@ -2581,6 +2822,7 @@ public final class Overloadery {
         }
 
         private void gatherOn() {
+            instances.makeRoom();
             while (seen < gathered && isDecided(path[seen])) {
                 seen++;
             }
@@ -2618,9 +2860,7 @@ public final class Overloadery {
                 startWalk(WITHIN);
             } else {
                 takeMembers();
-                if (plan == ALL) startTry(NARROW);
-                else if (plan == WIDEST) startTry(WIDER);
-                else startTry(FIRST_ALONE);
+                tryFor(plan == ALL ? NARROW : plan == WIDEST ? WIDER : FIRST_ALONE);
             }
         }
 
@@ -2634,17 +2874,24 @@ public final class Overloadery {
 
         // ---- trying
 
-        private void startTry(int next) {
-            plan = next;
+        private void startTry() {
             phase = TRY;
             int last = looksFrom(instances.members() * 2);
-            if (next == FIRST || next == FIRST_ALONE) ways.beginFirst(goal, last);
-            else ways.begin(goal, next != NARROW, last);
+            boolean isFirst = plan == FIRST || plan == FIRST_ALONE;
+            boolean isWide = plan == WIDE || plan == WIDER;
+            int tested = isCircle() ? instances.member(instances.members() - 1) : goal;
+            if (isFirst) ways.beginFirst(tested, last);
+            else ways.begin(tested, isWide, last);
+        }
+
+        /** Whether those are tried that are in a circle on the way. */
+        private boolean isCircle() {
+            return plan <= WITHIN || plan == BACKWARD;
         }
 
         private void endTry() {
             int found = ways.found();
-            if (plan <= WITHIN || plan == BACKWARD) {
+            if (isCircle()) {
                 endCircle(found);
             } else if (found == Ways.ONE) {
                 if (plan == FIRST || plan == FIRST_ALONE) instances.settle(goal, ways.survivors());
@@ -2655,15 +2902,15 @@ public final class Overloadery {
                 instances.settle(goal, 1 << Instances.UNSURE);
                 phase = DONE;
             } else if (plan == NARROW) {
-                startTry(WIDE);
+                tryFor(WIDE);
             } else if (isCut && plan == WIDE) {
                 startWalk(BACKWARD);
             } else if (plan == WIDE) {
-                startGathering(WIDEST);
+                gatherFor(WIDEST);
             } else if (plan == WIDER) {
-                startTry(FIRST);
+                tryFor(FIRST);
             } else if (plan == FIRST) {
-                startGathering(ALONE);
+                gatherFor(ALONE);
             } else {
                 instances.settle(goal, first(instances.whole(goal)));
                 phase = DONE;
@@ -2671,7 +2918,7 @@ public final class Overloadery {
         }
 
         private void endWithout() {
-            if (plan == FIRST || plan == WIDER) startGathering(ALONE);
+            if (plan == FIRST || plan == WIDER) gatherFor(ALONE);
             else if (plan == NARROW || plan == WIDE) startWalk(BACKWARD);
             else phase = DONE;
         }
@@ -2686,7 +2933,7 @@ public final class Overloadery {
             int last = instances.member(instances.members() - 1);
             if (found == Ways.UNKNOWN) isCut = true;
             for (int i = 0; i < instances.members() && (found == Ways.ONE || found == Ways.NO_WAY); i++) {
-                release(instances.member(i));
+                instances.come(instances.member(i), plan == WITHIN ? gathering : 0, 0, 0);
             }
             boolean isGoal = found == Ways.NO_WAY && instances.follow(goal) == last;
             if (found == Ways.NO_WAY) instances.settle(isGoal ? goal : last, 1 << Instances.UNSURE);
@@ -2713,7 +2960,8 @@ public final class Overloadery {
         private static final int NEXT = 2;
         private static final int GUESS = 3;
         private static final int CLASH = 4;
-        private static final int DONE = 5;
+        private static final int END = 5;
+        private static final int DONE = 6;
 
         /** The row of a member: the first of those who depend on it, who is queued there, and what is noted of it. */
         private static final int EDGE = 0;
@@ -2758,6 +3006,7 @@ public final class Overloadery {
         private int tested;
         private int survivors;
         private int[] members = new int[0];
+        private int count;
         private int queueStart;
         private int queued;
         /** Who depends on a member, and the next one who does. */
@@ -2804,7 +3053,7 @@ public final class Overloadery {
             edgeCount = 0;
             queueStart = 0;
             queued = 0;
-            int count = instances.members();
+            count = instances.members();
             if (members.length < count * MEMBER) {
                 members = new int[Math.min(Instances.MOST_MEMBERS, Math.max(FEW, count << MORE)) * MEMBER];
             }
@@ -2827,7 +3076,7 @@ public final class Overloadery {
             one = NONE;
             if (phase == SPREAD && queued > 0) {
                 one = members[queueStart * MEMBER + QUEUED];
-                queueStart = queueStart + 1 == instances.members() ? 0 : queueStart + 1;
+                queueStart = queueStart + 1 == count ? 0 : queueStart + 1;
                 queued--;
                 members[one * MEMBER + NOTED] &= ~IS_QUEUED;
                 look.aimAt(instances.member(one));
@@ -2842,10 +3091,7 @@ public final class Overloadery {
         /** Goes on with what the look has told, if there was one. */
         void goOn() {
             boolean isOut = look.looks() > limit || guessed == MOST || trailed + 1 >= MOST_TRAILED;
-            if (isOut) {
-                end(UNKNOWN);
-                return;
-            }
+            if (isOut && phase != END) end(UNKNOWN);
             switch (phase) {
                 case SPREAD:
                     if (one != NONE) take();
@@ -2857,14 +3103,20 @@ public final class Overloadery {
                     break;
                 case NEXT: next(); break;
                 case GUESS: tryNext(); break;
-                default: goBack();
+                case CLASH: goBack(); break;
+                default: finish();
             }
         }
 
         private void end(int what) {
-            if (what == NO_WAY) undo(0);
-            else if (guessed > 0) undo((int) guesses[AHEAD]);
             found = what;
+            phase = END;
+        }
+
+        private void finish() {
+            if (found == NO_WAY) undo(0);
+            else if (guessed > 0) undo((int) guesses[AHEAD]);
+            if (found == ONE && !isFirst) keep();
             phase = DONE;
         }
 
@@ -2875,9 +3127,8 @@ public final class Overloadery {
             if (isFirst) {
                 phase = JUDGE;
             } else if (untested == 0 || Integer.bitCount(survivors) > 1) {
-                int count = Integer.bitCount(survivors);
-                end(count == 0 ? NO_WAY : count == 1 ? ONE : MORE_THAN_ONE);
-                if (count == 1) keep();
+                int going = Integer.bitCount(survivors);
+                end(going == 0 ? NO_WAY : going == 1 ? ONE : MORE_THAN_ONE);
             } else {
                 tested = Descent.first(untested);
                 untested &= ~tested;
@@ -2948,7 +3199,7 @@ public final class Overloadery {
             if ((members[place * MEMBER + NOTED] & IS_QUEUED) != 0) return;
             members[place * MEMBER + NOTED] |= IS_QUEUED;
             int end = queueStart + queued;
-            if (end >= instances.members()) end -= instances.members();
+            if (end >= count) end -= count;
             members[end * MEMBER + QUEUED] = place;
             queued++;
         }
@@ -2995,7 +3246,7 @@ public final class Overloadery {
             while (queued > 0) {
                 queued--;
                 members[members[queueStart * MEMBER + QUEUED] * MEMBER + NOTED] &= ~IS_QUEUED;
-                queueStart = queueStart + 1 == instances.members() ? 0 : queueStart + 1;
+                queueStart = queueStart + 1 == count ? 0 : queueStart + 1;
             }
         }
 
@@ -3020,7 +3271,7 @@ public final class Overloadery {
         /** All guesses go with what follows. In a wide way it guesses on until all members have a body. */
         private void choose() {
             int next = isFirst ? nextWithNumber() : NONE;
-            for (int i = instances.members() - 1; i >= 0 && isWide && next == NONE; i--) {
+            for (int i = count - 1; i >= 0 && isWide && next == NONE; i--) {
                 if (!Instances.isSingle(instances.set(instances.member(i)))) next = instances.member(i);
             }
             if (next != NONE) {
@@ -3040,7 +3291,8 @@ public final class Overloadery {
             for (int i = 0; i < types.numbered(); i++) {
                 if (!Types.isInstance(types.head(i)) || types.isOpen(i)) continue;
                 types.pack(i * Types.WIDTH);
-                int id = instances.find(types.first, types.second, types.third);
+                long mixed = Instances.mixed(types.first, types.second, types.third);
+                int id = instances.find(types.first, types.second, types.third, mixed);
                 if (id == NONE || Instances.isSingle(instances.whole(id))) continue;
                 if (instances.isMember(instances.follow(id))) return id;
             }
@@ -3281,17 +3533,11 @@ public final class Overloadery {
         // ---- what is asked, for what is supposed of bodies
 
         /** What is asked of one function, or of all that there are, or of all candidates. */
-        long answer(int kind, int function, int other) {
-            if (kind == SHARE || kind == BEST || kind == BEST_ANEW) {
-                for (int i = 0; i < functions.count(); i++) {
-                    areViable[i] = (kind == SHARE || areCandidates[i]) && settles(i);
-                }
-                if (kind == SHARE) return viableCount();
-                return answerFor(kind == BEST ? bestByWalks() : bestByPairs());
-            }
-            boolean isViable = settles(function);
-            if (kind == VIABLE) return isViable ? 1 : 0;
-            if (!isViable) return NOT_VIABLE;
+        long outcome(int kind, int function, int other) {
+            if (kind == SHARE) return viableCount();
+            if (kind >= BEST) return answerFor(kind == BEST ? bestByWalks() : bestByPairs());
+            if (kind == VIABLE) return areViable[function] ? 1 : 0;
+            if (!areViable[function]) return NOT_VIABLE;
             if (kind == COMING) {
                 int way = ways[function * Functions.EACH + other];
                 return areSure[function * Functions.EACH + other] ? way : -1 - way;
@@ -3310,16 +3556,18 @@ public final class Overloadery {
             return sum;
         }
 
-        /** Finds how the arguments come to the parameters of a function, and tells whether it is viable. */
-        private boolean settles(int function) {
+        /** Finds how the arguments come to the parameters of a function, if this is asked, and whether it is viable. */
+        void settle(int kind, int asked, int function) {
+            areViable[function] = false;
+            boolean isAsked = kind == SHARE || (kind >= BEST ? areCandidates[function] : asked == function);
+            if (!isAsked || functions.parameters(function) != count) return;
             types.empty(Types.DEDUCED);
-            if (functions.parameters(function) != count) return false;
             for (int i = 0; i < count; i++) {
                 int told = functions.told(function, i);
                 taken[i] = types.isOpen(told) ? matched(told, i) : told * Types.WIDTH;
-                if (taken[i] == NONE) return false;
+                if (taken[i] == NONE) return;
             }
-            if (!look.areMet(Types.DEDUCED, Functions.constraintSet(function))) return false;
+            if (!look.areMet(Types.DEDUCED, Functions.constraintSet(function))) return;
             for (int i = 0; i < count; i++) {
                 int way = directWay(function, i);
                 int conversions = 0;
@@ -3332,11 +3580,11 @@ public final class Overloadery {
                     if (told != NONE && (types.isSame(from, to) || valueWay(from, to) != NONE)) conversions++;
                 }
                 if (conversions > 0) way = 3 * RANK;
-                if (way == NONE) return false;
+                if (way == NONE) return;
                 ways[function * Functions.EACH + i] = way;
                 areSure[function * Functions.EACH + i] = conversions < 2;
             }
-            return true;
+            areViable[function] = true;
         }
 
         /** The place of a type that is told for a conversion, those from which a class can be made first; or NONE. */
@@ -3482,15 +3730,17 @@ public final class Overloadery {
         private static final int LATEST = 2;
 
         private static final int STEPS = 1 << 9;
-        private static final int LOOKS = 1 << 16;
+        private static final int LOOKS = 1 << 14;
+        private static final int MORE_LOOKS = 2;
         private static final int FARTHER = 3;
-        /** How many in a line may be met without being noted. */
+        /** How many in a line may be met without being noted; after how many steps a body is found. */
         private static final int RUN = 16;
+        private static final int TURN = 16;
         private static final int FEW = 1 << 6;
         private static final int MORE = 5;
         private static final int MOST_NOTED = 1 << 19;
         private static final int MOST_PENDING = 1 << 15;
-        private static final int MOST_UNKNOWN = 32;
+        private static final int MOST_UNKNOWN = 64;
 
         /** Behind the queues of the sizes are those of the instances whose bodies are to be found, by levels. */
         private static final int OPEN = Types.LARGEST + 1;
@@ -3512,6 +3762,7 @@ public final class Overloadery {
         private int level;
         private int order;
         private int steps;
+        private int others;
         private int openLevel;
         private boolean isCut;
         /** Numbers that tell apart the instances that were met; each walk has a number of its own. */
@@ -3536,10 +3787,8 @@ public final class Overloadery {
             this.look = look;
         }
 
-        /** Begins to look up classes, told as bits, by way of types with these classes and templates in them. */
-        void begin(int classes, int contents) {
-            templates.findEnds();
-            templates.lookBehind(contents);
+        /** Begins to look up classes, told as bits; what can be met by way of the arguments must be known. */
+        void begin(int classes) {
             asked = classes;
             wanted = classes;
             found = 0;
@@ -3568,6 +3817,7 @@ public final class Overloadery {
             this.level = level;
             this.order = order;
             unknowns = 0;
+            others = 0;
             clear();
             isCut = false;
         }
@@ -3588,7 +3838,7 @@ public final class Overloadery {
 
         /** How often may be looked at instances on the way. */
         int mostLooks() {
-            return LOOKS << FARTHER * level;
+            return LOOKS << MORE_LOOKS * level;
         }
 
         // ---- what is pending
@@ -3624,14 +3874,17 @@ public final class Overloadery {
             if (!isFirst || lasts[queue] == NONE) lasts[queue] = at;
         }
 
-        /** Takes the next one into a row, and tells how long its line is; NONE if there is none. */
+        /**
+         * Takes the next one into a row, and tells how long its line is; NONE if there is none. Now and then it is an
+         * instance whose body must be found, even if there are others.
+         */
         private int taken() {
-            int queue = 0;
-            while (queue < QUEUES && firsts[queue] == NONE) {
-                queue++;
+            int queue = steps % TURN == 0 ? OPEN : 0;
+            for (int i = 0; i < QUEUES && firsts[queue] == NONE; i++) {
+                queue = queue + 1 == QUEUES ? 0 : queue + 1;
             }
-            if (queue == QUEUES) return NONE;
             int at = firsts[queue];
+            if (at == NONE) return NONE;
             firsts[queue] = (int) pending[at * ROW + NEXT];
             if (firsts[queue] == NONE) lasts[queue] = NONE;
             pending[at * ROW + NEXT] = firsts[QUEUES];
@@ -3655,23 +3908,25 @@ public final class Overloadery {
         }
 
         private void note(long number) {
-            if (count > noted.length - noted.length / 4) grow();
+            if (count > noted.length - noted.length / 4 && noted.length < MOST_NOTED) grow();
+            enter(number);
+            count++;
+        }
+
+        private void enter(long number) {
             int mask = noted.length - 1;
             int at = (int) number & mask;
             for (int i = 0; i <= mask && noted[at] != 0; i++) {
                 at = at + 1 & mask;
             }
             noted[at] = number;
-            count++;
         }
 
         private void grow() {
             long[] before = noted;
-            if (before.length >= MOST_NOTED) return;
             noted = new long[Math.min(MOST_NOTED, before.length << MORE)];
-            count = 0;
             for (int i = 0; i < before.length; i++) {
-                if (before[i] != 0) note(before[i]);
+                if (before[i] != 0) enter(before[i]);
             }
         }
 
@@ -3707,7 +3962,22 @@ public final class Overloadery {
                 scan(run);
             }
             isCut = true;
+            while (unknowns < MOST_UNKNOWN / 2 && wanted != 0) {
+                int at = firsts[OPEN];
+                if (at == NONE) return false;
+                firsts[OPEN] = (int) pending[at * ROW + NEXT];
+                noteUnknown(pending[at * ROW], pending[at * ROW + 1], pending[at * ROW + 2]);
+            }
             return false;
+        }
+
+        private void noteUnknown(long one, long two, long three) {
+            isCut = true;
+            if (unknowns == MOST_UNKNOWN) return;
+            unknown[unknowns * NEXT] = one;
+            unknown[unknowns * NEXT + 1] = two;
+            unknown[unknowns * NEXT + 2] = three;
+            unknowns++;
         }
 
         /** The words of the instance whose body must be found. */
@@ -3721,48 +3991,55 @@ public final class Overloadery {
             int place = Types.WALKED * Types.WIDTH;
             if (goesBehind(place)) return;
             types.pack(place);
-            if (openLevel < level) {
-                push(OPEN + openLevel + 1, 0);
-                return;
-            }
-            isCut = true;
-            if (unknowns == MOST_UNKNOWN) return;
-            unknown[unknowns * NEXT] = types.first;
-            unknown[unknowns * NEXT + 1] = types.second;
-            unknown[unknowns * NEXT + 2] = types.third;
-            unknowns++;
+            if (openLevel < level) push(OPEN + openLevel + 1, 0);
+            else noteUnknown(types.first, types.second, types.third);
         }
 
-        /** Meets what is met behind each base that an instance can have whose body could not be found. */
-        void meetBehindUnknown() {
-            for (int i = 0; i < unknowns && wanted != 0; i++) {
+        /**
+         * Meets what is met behind each base that an instance can have whose body could not be found. Behind such a base
+         * there may be other ones like that, so this calls itself, so often at most.
+         */
+        void meetBehindUnknown(int from, int depth) {
+            int end = unknowns;
+            for (int i = from; i < end && wanted != 0 && depth > 0; i++) {
                 int before = found;
                 int common = NONE;
                 int bodies = Instances.ALL;
                 for (int body = 0; body < Instances.BODIES && (common & ~before) != 0; body++) {
-                    long third = unknown[i * NEXT + 2];
-                    types.unpack(unknown[i * NEXT], unknown[i * NEXT + 1], third, Types.WALKED);
-                    if (body == 0) bodies = look.setAt(Types.WALKED * Types.WIDTH);
-                    if ((bodies >> body & 1) == 1) common &= foundBehind(body, before);
+                    int place = Types.WALKED * Types.WIDTH;
+                    types.unpack(unknown[i * NEXT], unknown[i * NEXT + 1], unknown[i * NEXT + 2], Types.WALKED);
+                    if (body == 0) bodies = look.setAt(place);
+                    if ((bodies >> body & 1) == 0) continue;
+                    found = before;
+                    findWanted();
+                    startRound();
+                    int base = look.baseAt(place, body, Types.OTHER);
+                    if (base != NONE) put(base);
+                    goAround();
+                    meetBehindUnknown(end, depth - 1);
+                    unknowns = end;
+                    common &= found;
                 }
                 found = before | common;
                 findWanted();
             }
         }
 
-        private int foundBehind(int body, int before) {
-            startRound();
-            found = before;
-            findWanted();
-            int base = look.baseAt(Types.WALKED * Types.WIDTH, body, Types.OTHER);
-            if (base != NONE) put(base);
-            while (wanted != 0 && steps < STEPS << FARTHER * level && !isFull()) {
+        /** Goes as far as it can go without bodies that must be found. */
+        private void goAround() {
+            int most = STEPS << FARTHER * level >> FARTHER;
+            while (wanted != 0 && steps < most && others < STEPS << FARTHER * level && !isFull()) {
                 int run = taken();
-                if (run == NONE) break;
+                if (run == NONE) return;
                 steps++;
-                if (openLevel == NONE) scan(run);
+                others++;
+                if (openLevel == NONE) {
+                    scan(run);
+                } else {
+                    types.pack(Types.WALKED * Types.WIDTH);
+                    noteUnknown(types.first, types.second, types.third);
+                }
             }
-            return found;
         }
 
         /** Goes through a type: to the classes in it, and to the bases of the instances in it. */
