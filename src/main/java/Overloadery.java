@@ -1519,16 +1519,19 @@ public final class Overloadery {
         private static final int MAP_AT = 30;
         private static final int STRICT_AT = 48;
         private static final int HELD_AT = 49;
+        private static final int DEPTH_AT = 50;
+        private static final long DEPTHS = 15L << DEPTH_AT;
         private static final int PLACES = (1 << 22) - 1;
         private static final int MAPS = (1 << 18) - 1;
         /** The marks: the walk that came to it, when, whether it has left it, whether that was told earlier; and a place. */
-        private static final int TIME_AT = 20;
+        private static final int TIME_AT = 16;
         private static final int LEFT_AT = 41;
         private static final int LOWERED_AT = 42;
         private static final int PLACE_AT = 43;
-        static final int MOST_WALKS = (1 << 20) - 2;
-        private static final int WALKS = (1 << 20) - 1;
-        private static final int TIMES = (1 << 21) - 1;
+        static final int MOST_WALKS = (1 << 16) - 2;
+        static final int MOST_TIMES = (1 << 25) - 2;
+        private static final int WALKS = (1 << 16) - 1;
+        private static final int TIMES = (1 << 25) - 1;
 
         /** No bounds of the document: those of the room in which the program lives. */
         private static final int FEW = 1 << 9;
@@ -1544,6 +1547,8 @@ public final class Overloadery {
         private int[] index = new int[FEW * 2];
         /** The map of the one that was followed last. */
         private int map;
+        /** How much is assumed; what is found then is noted with it. */
+        private int depth;
         /** Those for which bodies are tried, and the guesses on which the bodies of each depend, as bits. */
         private int members;
         private int[] memberRow = new int[0];
@@ -1622,7 +1627,7 @@ public final class Overloadery {
             rows[row] = one;
             rows[row + 1] = two;
             rows[row + 2] = three;
-            rows[row + STATE] = set;
+            rows[row + STATE] = set | (long) depth << DEPTH_AT;
             rows[row + MARKS] = 0;
             enter(count, mixed(one, two, three));
             return count++;
@@ -1710,6 +1715,7 @@ public final class Overloadery {
             }
             count = 0;
             members = 0;
+            depth = 0;
         }
 
         int count() {
@@ -1732,12 +1738,25 @@ public final class Overloadery {
 
         void putSet(int id, int set) {
             int at = id * ROW + STATE;
-            rows[at] = rows[at] & ~(long) ALL | set;
+            if (set == ((int) rows[at] & ALL)) return;
+            rows[at] = rows[at] & ~(ALL | DEPTHS) | set | (long) depth << DEPTH_AT;
         }
 
         /** Lets an instance have a body whether this follows from others or not. */
         void settle(int id, int set) {
-            rows[id * ROW + STATE] = set | 1L << SETTLED_AT;
+            rows[id * ROW + STATE] = set | 1L << SETTLED_AT | (long) depth << DEPTH_AT;
+        }
+
+        void putDepth(int depth) {
+            this.depth = depth;
+        }
+
+        /** Forgets what depends on what was assumed last; those can be come to again that were come to from a time on. */
+        void forgetAssumed(int walk, int time, int next) {
+            for (int id = 0; id < count; id++) {
+                if ((rows[id * ROW + STATE] & DEPTHS) == (long) depth << DEPTH_AT) rows[id * ROW + STATE] = ALL;
+                if (walk(id) == walk && time(id) >= time) rows[id * ROW + MARKS] = next;
+            }
         }
 
         boolean isSettled(int id) {
@@ -1758,7 +1777,8 @@ public final class Overloadery {
         }
 
         void bind(int id, int to, int map) {
-            rows[id * ROW + STATE] = 1L << BOUND_AT | (long) to << TO_AT | (long) map << MAP_AT;
+            long bound = 1L << BOUND_AT | (long) depth << DEPTH_AT;
+            rows[id * ROW + STATE] = bound | (long) to << TO_AT | (long) map << MAP_AT;
         }
 
         /** The one to which an instance is bound by one or more maps, or itself; how is told by map(). */
@@ -1787,7 +1807,9 @@ public final class Overloadery {
                 all = SAME;
                 at = id;
             }
-            if (isTold && hops > 1) rows[id * ROW + STATE] = 1L << BOUND_AT | (long) at << TO_AT | (long) all << MAP_AT;
+            if (isTold && hops > 1 && depth == 0) {
+                rows[id * ROW + STATE] = 1L << BOUND_AT | (long) at << TO_AT | (long) all << MAP_AT;
+            }
             map = all;
             return at;
         }
@@ -1900,6 +1922,7 @@ public final class Overloadery {
         static final int MOST = 40;
         static final int MOST_OPEN = Templates.EACH * PARAMETERS;
         private static final int RUNS = 1 << 10;
+        private static final int MOST_MET = 1 << 7;
         private static final int WORDS = 3;
         private static final int SET = 1;
         private static final int SUPPOSED = 2;
@@ -1951,6 +1974,9 @@ public final class Overloadery {
         private boolean isStrict;
         private long reasons;
         private int looks;
+        /** The instances that were met in the last look, unless they are too many. */
+        private final int[] met = new int[MOST_MET];
+        private int metCount;
         /** On whose bodies those depend that were asked for last: its place or NONE, its bodies, and how. */
         private int decider;
         private int deciding;
@@ -2001,6 +2027,13 @@ public final class Overloadery {
 
         long stopWord(int at, int word) {
             return words[at * WORDS + word];
+        }
+
+        /** Holds all instances on which the one that was looked at depends, whether their bodies are known or not. */
+        void holdMet() {
+            for (int i = 0; i < metCount; i++) {
+                instances.hold(met[i]);
+            }
         }
 
         /** The body that the one that was looked at has if no open constraint holds. */
@@ -2062,6 +2095,7 @@ public final class Overloadery {
             int own = Types.OWN * Types.WIDTH;
             template = Types.templateOf(types.tokens[own]);
             isOver = true;
+            metCount = 0;
             for (int turn = 0; turn < 2 && isOver; turn++) {
                 forget();
                 isCareful = turn > 0;
@@ -2313,6 +2347,7 @@ public final class Overloadery {
             long mixed = Instances.mixed(types.first, types.second, types.third);
             int id = instances.find(types.first, types.second, types.third, mixed);
             if (id == NONE) return all;
+            if (metCount < MOST_MET) met[metCount++] = id;
             decider = instances.follow(id);
             map = instances.map();
             reasons |= instances.reasons(decider);
@@ -2405,20 +2440,24 @@ public final class Overloadery {
         static final int LEVELS = 6;
         private static final int LOOKS = 1 << 8;
         private static final int FARTHER = 3;
+        /** How far it goes at last along a line without a fork. */
+        private static final int LINE_LOOKS = 1 << 25;
 
         /** What is done next; the first ones begin with a look. */
         private static final int DESCEND = 0;
         private static final int RUN_ON = 1;
-        private static final int GATHER = 2;
-        private static final int TRY = 3;
-        private static final int GO_ON = 4;
-        private static final int END_WALK = 5;
-        private static final int START_GATHERING = 6;
-        private static final int GATHER_ON = 7;
-        private static final int END_GATHERING = 8;
-        private static final int START_TRY = 9;
-        private static final int END_TRY = 10;
-        private static final int DONE = 11;
+        private static final int HOLD = 2;
+        private static final int GATHER = 3;
+        private static final int TRY = 4;
+        private static final int GO_ON = 5;
+        private static final int END_WALK = 6;
+        private static final int START_GATHERING = 7;
+        private static final int GATHER_ON = 8;
+        private static final int END_GATHERING = 9;
+        private static final int START_TRY = 10;
+        private static final int END_TRY = 11;
+        private static final int ASSUME = 12;
+        private static final int DONE = 13;
 
         /** What is done at a level, one after another. */
         private static final int FORWARD = 0;
@@ -2433,6 +2472,20 @@ public final class Overloadery {
         private static final int FIRST = 9;
         private static final int ALONE = 10;
         private static final int FIRST_ALONE = 11;
+
+        /**
+         * What is assumed of one of a circle that is too large: where it is on the path, how many were left in circles ahead
+         * of it, when it was come to; its bodies, those that are left to assume, that which is assumed, and those that go.
+         */
+        private static final int HEIGHT = 0;
+        private static final int STACKED = 1;
+        private static final int TIME = 2;
+        private static final int BODIES = 3;
+        private static final int LEFT = 4;
+        private static final int ASSUMED = 5;
+        private static final int GOING = 6;
+        private static final int ROW = 7;
+        private static final int MOST_ASSUMED = 12;
 
         /** Where there are more instances than these, only some of a long line of them are kept. */
         private static final int DENSE = Instances.MOST / 4;
@@ -2464,9 +2517,14 @@ public final class Overloadery {
         /** Whether something was left out, and whether there was a choice where to go on. */
         private boolean isCut;
         private boolean isForked;
+        /** How many of the path were held, and whether nothing more can be shed. */
+        private int held;
+        private boolean isPacked;
         /** How many in a line were not kept, and what follows for the last one that was kept. */
         private int run;
         private int runMap;
+        private final int[] assumed = new int[MOST_ASSUMED * ROW];
+        private int depth;
 
         Descent(Types types, Instances instances, Look look) {
             this.types = types;
@@ -2495,6 +2553,7 @@ public final class Overloadery {
                 switch (phase) {
                     case DESCEND: descend(); break;
                     case RUN_ON: runOn(path[height - 1]); break;
+                    case HOLD: hold(); break;
                     case GATHER: gather(); break;
                     case TRY: if (ways.isDone()) phase = END_TRY; else ways.goOn(); break;
                     case GO_ON: goOn(); break;
@@ -2503,6 +2562,7 @@ public final class Overloadery {
                     case GATHER_ON: gatherOn(); break;
                     case END_GATHERING: endGathering(); break;
                     case START_TRY: startTry(); break;
+                    case ASSUME: assumeNext(); break;
                     default: endTry();
                 }
             }
@@ -2542,13 +2602,20 @@ public final class Overloadery {
             stacked = 0;
             isCut = false;
             isForked = false;
-            limit = looksFrom(0);
+            isPacked = false;
+            depth = 0;
+            limit = looksFrom(next == FORWARD && level == LEVELS - 1 ? LINE_LOOKS : 0);
         }
 
         /** Aims at the last one of the path, or finds what else is to be done. */
         private void goOn() {
             instances.makeRoom();
-            if (instances.isFull() && plan != WITHIN) shed();
+            if (instances.isFull() && plan != WITHIN && !isPacked && height > 0) {
+                phase = HOLD;
+                held = 0;
+                look.aimAt(path[0]);
+                return;
+            }
             if (height == 0) {
                 int first = instances.follow(goal);
                 boolean isNew = !isFound() && instances.walk(first) != walk;
@@ -2574,8 +2641,14 @@ public final class Overloadery {
             phase = START_TRY;
         }
 
-        /** Sheds all instances from which it does not go on, so that there is room for others. */
-        private void shed() {
+        /** Holds what those on the path depend on; then all other instances are shed, so that there is room for new ones. */
+        private void hold() {
+            look.holdMet();
+            held++;
+            if (held < height) {
+                look.aimAt(path[held]);
+                return;
+            }
             instances.hold(goal);
             for (int i = 0; i < height + stacked; i++) {
                 instances.hold(path[i < height ? i : path.length - 1 - (i - height)]);
@@ -2587,11 +2660,13 @@ public final class Overloadery {
                 path[at] = instances.moved(path[at]);
             }
             instances.remember();
+            isPacked = instances.isCrowded();
+            phase = GO_ON;
         }
 
         private boolean mayEnter(int id) {
             boolean isNear = plan != WITHIN || id != NONE && instances.walk(id) == gathering;
-            boolean hasRoom = id != NONE || !instances.isFull();
+            boolean hasRoom = (id != NONE || !instances.isFull()) && time < Instances.MOST_TIMES;
             boolean may = isNear && hasRoom && look.looks() < limit;
             if (!may) isCut = true;
             return may;
@@ -2621,6 +2696,12 @@ public final class Overloadery {
             int top = path[height - 1];
             int set = instances.set(top) & look.set();
             phase = GO_ON;
+            if (isAssumed()) {
+                if (set == 0) endAssumed(false);
+                else if (set == look.set()) endAssumed(true);
+                else goFrom(top);
+                return;
+            }
             if (set == 0) {
                 leaveWithout(top);
                 return;
@@ -2643,6 +2724,10 @@ public final class Overloadery {
 
         /** There is no body that goes for an instance: it is not sure, or that which was asked for if this depends on it. */
         private void leaveWithout(int top) {
+            if (depth > 0) {
+                endAssumed(false);
+                return;
+            }
             boolean isGoal = instances.follow(goal) == top;
             instances.settle(isGoal ? goal : top, 1 << Instances.UNSURE);
             if (isGoal) phase = DONE;
@@ -2742,6 +2827,7 @@ public final class Overloadery {
         /** Goes from an instance to the next one on which it depends; if there is none, leaves it. */
         private void goFrom(int top) {
             if (look.isOver()) isCut = true;
+            if (!isForked) limit = Math.min(limit, looksFrom(0));
             isForked = true;
             int next = NONE;
             int least = instances.time(top);
@@ -2760,6 +2846,10 @@ public final class Overloadery {
 
         /** Leaves an instance whose body is not found. All with which it is in a circle are tried together. */
         private void leaveOpen(int top) {
+            if (isAssumed()) {
+                endAssumed(true);
+                return;
+            }
             height--;
             if (instances.isLowered(top)) {
                 path[path.length - 1 - stacked] = top;
@@ -2778,6 +2868,64 @@ public final class Overloadery {
                 doFit = doFit && instances.takes(stackedAt(i));
             }
             if (doFit && instances.takes(top)) phase = START_TRY;
+            else if (end > stacked) assume(top);
+        }
+
+        // ---- assuming
+
+        /** Begins to assume, one after another, the bodies that an instance can have; it is the next one on the path. */
+        private void assume(int top) {
+            instances.clearMembers();
+            if (depth == MOST_ASSUMED) return;
+            int row = depth * ROW;
+            path[height] = top;
+            assumed[row + HEIGHT] = height;
+            assumed[row + STACKED] = stacked;
+            assumed[row + TIME] = instances.time(top);
+            assumed[row + BODIES] = instances.set(top);
+            assumed[row + LEFT] = instances.set(top);
+            assumed[row + GOING] = 0;
+            depth++;
+            phase = ASSUME;
+        }
+
+        /** Whether the last one of the path is that of which something is assumed. */
+        private boolean isAssumed() {
+            return depth > 0 && assumed[(depth - 1) * ROW + HEIGHT] == height - 1;
+        }
+
+        private void endAssumed(boolean doesGo) {
+            int row = (depth - 1) * ROW;
+            if (doesGo) assumed[row + GOING] |= assumed[row + ASSUMED];
+            phase = ASSUME;
+        }
+
+        /** Assumes the next body, or ends: then the only body that goes is the one that it has. */
+        private void assumeNext() {
+            int row = (depth - 1) * ROW;
+            int going = assumed[row + GOING];
+            height = assumed[row + HEIGHT];
+            stacked = assumed[row + STACKED];
+            int top = path[height];
+            instances.putDepth(depth);
+            instances.forgetAssumed(walk, assumed[row + TIME], plan == WITHIN ? gathering : 0);
+            phase = GO_ON;
+            if (assumed[row + LEFT] != 0 && (going & going - 1) == 0) {
+                int next = first(assumed[row + LEFT]);
+                assumed[row + LEFT] &= ~next;
+                assumed[row + ASSUMED] = next;
+                instances.putSet(top, next);
+                enter(top);
+                return;
+            }
+            depth--;
+            instances.putDepth(depth);
+            instances.putSet(top, going == 0 ? assumed[row + BODIES] : going);
+            instances.restrict(top);
+            if (going == 0) endCircle(Ways.NO_WAY, top);
+            if ((going & going - 1) == 0) return;
+            instances.come(top, walk, assumed[row + TIME], stacked);
+            instances.leave(top);
         }
 
         // ---- gathering
@@ -2881,6 +3029,7 @@ public final class Overloadery {
             boolean isWide = plan == WIDE || plan == WIDER;
             int tested = isCircle() ? instances.member(instances.members() - 1) : goal;
             if (isFirst) ways.beginFirst(tested, last);
+            else if (isCircle()) ways.beginForAll(tested, last);
             else ways.begin(tested, isWide, last);
         }
 
@@ -2892,7 +3041,7 @@ public final class Overloadery {
         private void endTry() {
             int found = ways.found();
             if (isCircle()) {
-                endCircle(found);
+                endCircle(found, instances.member(instances.members() - 1));
             } else if (found == Ways.ONE) {
                 if (plan == FIRST || plan == FIRST_ALONE) instances.settle(goal, ways.survivors());
                 phase = DONE;
@@ -2928,17 +3077,25 @@ public final class Overloadery {
             return (set >> Instances.ITSELF & 1) == 1 ? 1 << Instances.ITSELF : set & -set;
         }
 
-        /** Goes on when all those in a circle were tried. */
-        private void endCircle(int found) {
-            int last = instances.member(instances.members() - 1);
-            if (found == Ways.UNKNOWN) isCut = true;
+        /** Goes on when all those in a circle were tried, of which one was come to first. */
+        private void endCircle(int found, int top) {
+            phase = GO_ON;
             for (int i = 0; i < instances.members() && (found == Ways.ONE || found == Ways.NO_WAY); i++) {
                 instances.come(instances.member(i), plan == WITHIN ? gathering : 0, 0, 0);
             }
-            boolean isGoal = found == Ways.NO_WAY && instances.follow(goal) == last;
-            if (found == Ways.NO_WAY) instances.settle(isGoal ? goal : last, 1 << Instances.UNSURE);
             instances.clearMembers();
-            phase = isGoal ? DONE : GO_ON;
+            if (found == Ways.UNKNOWN) {
+                isCut = true;
+                assume(top);
+            }
+            if (found != Ways.NO_WAY) return;
+            if (depth > 0) {
+                endAssumed(false);
+                return;
+            }
+            boolean isGoal = instances.follow(goal) == top;
+            instances.settle(isGoal ? goal : top, 1 << Instances.UNSURE);
+            if (isGoal) phase = DONE;
         }
     }
 
@@ -3001,7 +3158,11 @@ public final class Overloadery {
         private int limit;
         private boolean isWide;
         private boolean isFirst;
-        /** The bodies of the goal that are left to test, that which is tested, and those that go. */
+        private boolean isForAll;
+        /** For whom bodies are tested: the goal, then members; the place of the last one of these. */
+        private int subject;
+        private int subjectPlace;
+        /** The bodies that are left to test, that which is tested, and those that go. */
         private int untested;
         private int tested;
         private int survivors;
@@ -3045,15 +3206,15 @@ public final class Overloadery {
             this.isWide = isWide;
             this.limit = limit;
             isFirst = false;
-            untested = instances.whole(goal);
-            tested = 0;
-            survivors = 0;
+            isForAll = false;
+            count = instances.members();
+            subjectPlace = count;
+            test(goal);
             guessed = 0;
             trailed = 0;
             edgeCount = 0;
             queueStart = 0;
             queued = 0;
-            count = instances.members();
             if (members.length < count * MEMBER) {
                 members = new int[Math.min(Instances.MOST_MEMBERS, Math.max(FEW, count << MORE)) * MEMBER];
             }
@@ -3063,6 +3224,19 @@ public final class Overloadery {
                 enqueue(i);
             }
             phase = SPREAD;
+        }
+
+        private void test(int id) {
+            subject = id;
+            untested = instances.whole(id);
+            tested = 0;
+            survivors = 0;
+        }
+
+        /** Begins to find the bodies of all members, if just one body of the goal goes. */
+        void beginForAll(int goal, int limit) {
+            begin(goal, false, limit);
+            isForAll = true;
         }
 
         /** Begins to find the first way, in which those that have numbers come first, so that all calls find the same one. */
@@ -3091,7 +3265,7 @@ public final class Overloadery {
         /** Goes on with what the look has told, if there was one. */
         void goOn() {
             boolean isOut = look.looks() > limit || guessed == MOST || trailed + 1 >= MOST_TRAILED;
-            if (isOut && phase != END) end(UNKNOWN);
+            if (isOut && phase != END) end(subject == goal ? UNKNOWN : ONE);
             switch (phase) {
                 case SPREAD:
                     if (one != NONE) take();
@@ -3116,30 +3290,37 @@ public final class Overloadery {
         private void finish() {
             if (found == NO_WAY) undo(0);
             else if (guessed > 0) undo((int) guesses[AHEAD]);
-            if (found == ONE && !isFirst) keep();
             phase = DONE;
         }
 
-        /** Finds which body of the goal is tested next. */
+        /** Finds which body of the subject is tested next. */
         private void next() {
-            int left = instances.whole(goal);
-            untested &= left;
+            untested &= instances.whole(subject);
             if (isFirst) {
                 phase = JUDGE;
             } else if (untested == 0 || Integer.bitCount(survivors) > 1) {
-                int going = Integer.bitCount(survivors);
-                end(going == 0 ? NO_WAY : going == 1 ? ONE : MORE_THAN_ONE);
+                endSubject(Integer.bitCount(survivors));
             } else {
                 tested = Descent.first(untested);
                 untested &= ~tested;
-                put(goal, tested);
+                put(subject, tested);
             }
         }
 
-        /** Lets the goal have the only body that goes. */
-        private void keep() {
-            int decider = instances.follow(goal);
-            instances.putSet(decider, instances.set(decider) & Instances.origin(instances.map(), survivors));
+        /** Ends with the subject when so many of its bodies go, and goes on to the next one. */
+        private void endSubject(int going) {
+            // The others were ruled out for it; that it has this one must still go with what is found of others.
+            if (going == 1) instances.restrict(instances.follow(subject));
+            if (subject == goal && (going != 1 || !isForAll)) {
+                end(going == 0 ? NO_WAY : going == 1 ? ONE : MORE_THAN_ONE);
+                return;
+            }
+            if (subject == goal) trailed = 0;
+            do {
+                subjectPlace--;
+            } while (subjectPlace >= 0 && Instances.isSingle(instances.set(instances.member(subjectPlace))));
+            if (subjectPlace < 0) end(ONE);
+            else test(instances.member(subjectPlace));
         }
 
         /** Puts a guess for an instance, to try some bodies. */
@@ -3304,8 +3485,7 @@ public final class Overloadery {
             boolean isHigh = guessed > LAST_BIT && conflict >> LAST_BIT != 0;
             int at = isHigh ? guessed - 1 : Long.SIZE - 1 - Long.numberOfLeadingZeros(conflict);
             if (guessed == 0 || at < 0) {
-                guessed = 0;
-                end(NO_WAY);
+                end(subject == goal ? NO_WAY : ONE);
                 return;
             }
             int row = at * ROW;
@@ -3332,6 +3512,7 @@ public final class Overloadery {
             undo((int) guesses[AHEAD]);
             int set = instances.set(decider) & ~out;
             if (at > 0) untested |= tested;
+            instances.restrict(decider);
             guessed = 0;
             phase = SPREAD;
             if (set == 0) clash(0);
