@@ -54,7 +54,7 @@ public final class Overloadery {
         descent = new Descent(newTypes, newInstances, new Look(newTypes, newHierarchy, newTemplates, newInstances));
         functions = newFunctions;
         call = new Call(newTypes, newHierarchy, newTemplates, newFunctions, newLook);
-        walk = new Walk(newTypes, newHierarchy, newTemplates, newLook);
+        walk = new Walk(newTypes, newHierarchy, newTemplates, newInstances, newLook);
         making = new Making(newHierarchy);
     }
 
@@ -407,7 +407,7 @@ public final class Overloadery {
      * bodies are found; at last they have those that they have if what is open does not hold.
      */
     private long answer(int kind, int one, int two) {
-        if (kind < BEST) instances.forget();
+        if (kind < BEST) descent.begin();
         int last = descent.looks() + LOOKS;
         long answer = 0;
         boolean isCareful = false;
@@ -446,7 +446,7 @@ public final class Overloadery {
 
     /** Finds the candidates of the call of a name. */
     private void gather(int namespace, int name) {
-        instances.forget();
+        descent.begin();
         call.beginCandidates(namespace, name);
         int contents = 0;
         for (int i = 0; i < call.count(); i++) {
@@ -464,11 +464,18 @@ public final class Overloadery {
             int last = descent.looks() + walk.mostLooks();
             while (walk.goesOn()) {
                 walk.packOpen();
-                if (descent.looks() < last) descent.finds(table.first, table.second, table.third, walk.openLevel());
+                int level = descent.looks() < last ? walk.openLevel() : Descent.LEVELS;
+                boolean isFound = level < Descent.LEVELS && descent.finds(table.first, table.second, table.third, level);
+                walk.packOpen();
+                boolean isLast = walk.openLevel() == Descent.LEVELS - 1;
+                if (isLast && !isFound) descent.settleAtLeast(table.first, table.second, table.third);
                 walk.goFromOpen();
             }
-            walk.meetBehindUnknown(0, Look.STEPS);
+            for (int depth = 1; depth <= Walk.DEPTH && walk.lacksSome(); depth++) {
+                walk.meetAnyway(depth);
+            }
             isDone = walk.isDone();
+            if (!walk.isForked()) i += Walk.ORDERS - 1 - i % Walk.ORDERS;
         }
         for (int i = 0; i < functions.namespaces(); i++) {
             if ((walk.found() >> i & 1) == 1) call.takesFrom(i, name);
@@ -1521,6 +1528,8 @@ public final class Overloadery {
         private static final int HELD_AT = 49;
         private static final int DEPTH_AT = 50;
         private static final long DEPTHS = 15L << DEPTH_AT;
+        private static final int KEPT_AT = 54;
+        private static final long UNKNOWN = ALL | (long) ALL << KEPT_AT;
         private static final int PLACES = (1 << 22) - 1;
         private static final int MAPS = (1 << 18) - 1;
         /** The marks: the walk that came to it, when, whether it has left it, whether that was told earlier; and a place. */
@@ -1603,8 +1612,10 @@ public final class Overloadery {
 
         /** A number that tells a type apart from others. */
         static long mixed(long one, long two, long three) {
-            long mixed = one * 0x9E3779B97F4A7C15L ^ two * 0xC2B2AE3D27D4EB4FL ^ three * 0x165667B19E3779F9L;
-            mixed = (mixed ^ mixed >>> 29) * 0xBF58476D1CE4E5B9L;
+            long mixed = one * 0x9E3779B97F4A7C15L;
+            mixed = (mixed ^ mixed >>> 29 ^ two) * 0xBF58476D1CE4E5B9L;
+            mixed = (mixed ^ mixed >>> 32 ^ three) * 0x94D049BB133111EBL;
+            mixed = (mixed ^ mixed >>> 29) * 0x9E3779B97F4A7C15L;
             return mixed ^ mixed >>> 32;
         }
 
@@ -1627,10 +1638,15 @@ public final class Overloadery {
             rows[row] = one;
             rows[row + 1] = two;
             rows[row + 2] = three;
-            rows[row + STATE] = set | (long) depth << DEPTH_AT;
+            rows[row + STATE] = fresh(depth == 0 ? set : ALL) & ~(long) ALL | set | (long) depth << DEPTH_AT;
             rows[row + MARKS] = 0;
             enter(count, mixed(one, two, three));
             return count++;
+        }
+
+        /** The state of an instance of which just its bodies are known. */
+        private static long fresh(int set) {
+            return set | (long) set << KEPT_AT;
         }
 
         private void enterAll() {
@@ -1663,11 +1679,13 @@ public final class Overloadery {
             return count + SPARE > MOST;
         }
 
-        /** Marks an instance, and that to which it is bound, as one that is not shed. */
+        /** Marks an instance, and those to which it is bound, as ones that are not shed. */
         void hold(int id) {
-            rows[id * ROW + STATE] |= 1L << HELD_AT;
-            int to = (int) (rows[id * ROW + STATE] >> TO_AT) & PLACES;
-            if (isBound(id)) rows[to * ROW + STATE] |= 1L << HELD_AT;
+            int at = id;
+            for (int i = 0; i < MOST && (rows[at * ROW + STATE] >> HELD_AT & 1) == 0; i++) {
+                rows[at * ROW + STATE] |= 1L << HELD_AT;
+                if (isBound(at)) at = (int) (rows[at * ROW + STATE] >> TO_AT) & PLACES;
+            }
         }
 
         /** Sheds all instances that are not held. The others get new places, which are told by moved() until remember(). */
@@ -1688,7 +1706,7 @@ public final class Overloadery {
                 int to = (int) (state >> TO_AT) & PLACES;
                 int next = isBound(id) ? index[to] : NONE;
                 if (next != NONE) state = state & ~((long) PLACES << TO_AT) | (long) next << TO_AT;
-                rows[id * ROW + STATE] = isBound(id) && next == NONE ? ALL : state;
+                rows[id * ROW + STATE] = isBound(id) && next == NONE ? UNKNOWN : state;
             }
         }
 
@@ -1736,15 +1754,18 @@ public final class Overloadery {
             return (int) rows[id * ROW + STATE] & ALL;
         }
 
+        /** Lets an instance have fewer bodies. If something is assumed, those that it had without that are kept, too. */
         void putSet(int id, int set) {
             int at = id * ROW + STATE;
+            long kept = depth == 0 ? (long) set << KEPT_AT : rows[at] & (long) ALL << KEPT_AT;
             if (set == ((int) rows[at] & ALL)) return;
-            rows[at] = rows[at] & ~(ALL | DEPTHS) | set | (long) depth << DEPTH_AT;
+            rows[at] = rows[at] & ~(ALL | DEPTHS | (long) ALL << KEPT_AT) | set | (long) depth << DEPTH_AT | kept;
         }
 
         /** Lets an instance have a body whether this follows from others or not. */
         void settle(int id, int set) {
-            rows[id * ROW + STATE] = set | 1L << SETTLED_AT | (long) depth << DEPTH_AT;
+            long kept = depth == 0 ? (long) set << KEPT_AT : rows[id * ROW + STATE] & (long) ALL << KEPT_AT;
+            rows[id * ROW + STATE] = set | 1L << SETTLED_AT | (long) depth << DEPTH_AT | kept;
         }
 
         void putDepth(int depth) {
@@ -1754,7 +1775,8 @@ public final class Overloadery {
         /** Forgets what depends on what was assumed last; those can be come to again that were come to from a time on. */
         void forgetAssumed(int walk, int time, int next) {
             for (int id = 0; id < count; id++) {
-                if ((rows[id * ROW + STATE] & DEPTHS) == (long) depth << DEPTH_AT) rows[id * ROW + STATE] = ALL;
+                long state = rows[id * ROW + STATE];
+                if ((state & DEPTHS) == (long) depth << DEPTH_AT) rows[id * ROW + STATE] = fresh((int) (state >> KEPT_AT) & ALL);
                 if (walk(id) == walk && time(id) >= time) rows[id * ROW + MARKS] = next;
             }
         }
@@ -1777,7 +1799,7 @@ public final class Overloadery {
         }
 
         void bind(int id, int to, int map) {
-            long bound = 1L << BOUND_AT | (long) depth << DEPTH_AT;
+            long bound = 1L << BOUND_AT | (long) depth << DEPTH_AT | rows[id * ROW + STATE] & (long) ALL << KEPT_AT;
             rows[id * ROW + STATE] = bound | (long) to << TO_AT | (long) map << MAP_AT;
         }
 
@@ -1803,7 +1825,7 @@ public final class Overloadery {
             }
             if (!isTold) {
                 // The other one was settled otherwise than by what it was bound with.
-                rows[id * ROW + STATE] = ALL;
+                rows[id * ROW + STATE] = UNKNOWN;
                 all = SAME;
                 at = id;
             }
@@ -1989,8 +2011,13 @@ public final class Overloadery {
             this.instances = instances;
         }
 
+        /** How often was looked since it is counted. */
         int looks() {
             return looks;
+        }
+
+        void count() {
+            looks = 0;
         }
 
         /** The bodies that the one that was looked at can have. */
@@ -2356,6 +2383,15 @@ public final class Overloadery {
             return Instances.image(map, deciding);
         }
 
+        /** On whose body that depends which was asked for last; NONE if it is not among the instances. */
+        int decider() {
+            return decider;
+        }
+
+        int deciding() {
+            return deciding;
+        }
+
         /** The body of the instance whose bodies were asked for last: the only one, or that which is supposed. */
         int supposedOf(int bodies) {
             if (Instances.isSingle(bodies)) return Instances.code(bodies);
@@ -2403,7 +2439,7 @@ public final class Overloadery {
         int baseAt(int place, int body, int row) {
             int template = Types.templateOf(types.tokens[place]);
             boolean isItself = body == Instances.ITSELF;
-            int told = body == Instances.UNSURE ? NONE : templates.base(template, isItself ? Templates.ITSELF : body);
+            int told = body >= Instances.UNSURE ? NONE : templates.base(template, isItself ? Templates.ITSELF : body);
             if (told == NONE) return NONE;
             types.empty(Types.OF_BASE);
             if (isItself) {
@@ -2491,6 +2527,7 @@ public final class Overloadery {
         private static final int DENSE = Instances.MOST / 4;
         private static final int RUN = 64;
         private static final int MOST_NEAR = 1 << 17;
+        private static final int MOST_TRIED = 1 << 21;
         private static final int FEW = 1 << 6;
         private static final int MORE = 5;
         private static final int MOST = 1 << 28;
@@ -2535,6 +2572,12 @@ public final class Overloadery {
 
         int looks() {
             return look.looks();
+        }
+
+        /** Begins to find bodies for a question. */
+        void begin() {
+            instances.forget();
+            look.count();
         }
 
         /** Finds the body of an instance if a level is enough for that, and tells whether it is. */
@@ -2587,8 +2630,9 @@ public final class Overloadery {
             return Instances.isSingle(instances.whole(goal));
         }
 
-        private int looksFrom(int least) {
-            return look.looks() + Math.max(least, LOOKS << level * FARTHER);
+        /** How far it goes at this level from now on. */
+        private int last() {
+            return look.looks() + (LOOKS << level * FARTHER);
         }
 
         // ---- walks
@@ -2604,7 +2648,7 @@ public final class Overloadery {
             isForked = false;
             isPacked = false;
             depth = 0;
-            limit = looksFrom(next == FORWARD && level == LEVELS - 1 ? LINE_LOOKS : 0);
+            limit = next == FORWARD && level == LEVELS - 1 ? look.looks() + LINE_LOOKS : last();
         }
 
         /** Aims at the last one of the path, or finds what else is to be done. */
@@ -2827,7 +2871,7 @@ public final class Overloadery {
         /** Goes from an instance to the next one on which it depends; if there is none, leaves it. */
         private void goFrom(int top) {
             if (look.isOver()) isCut = true;
-            if (!isForked) limit = Math.min(limit, looksFrom(0));
+            if (!isForked) limit = Math.min(limit, last());
             isForked = true;
             int next = NONE;
             int least = instances.time(top);
@@ -2938,7 +2982,7 @@ public final class Overloadery {
             seen = 0;
             stacked = 0;
             isCut = false;
-            limit = looksFrom(0);
+            limit = last();
             add(instances.follow(goal));
             for (int i = 0; i < types.numbered() && plan == WIDEST; i++) {
                 int id = idOfNumbered(i);
@@ -3024,7 +3068,9 @@ public final class Overloadery {
 
         private void startTry() {
             phase = TRY;
-            int last = looksFrom(instances.members() * 2);
+            int last = look.looks() + Math.max(instances.members() * 2, Math.min(MOST_TRIED, LOOKS << level * FARTHER));
+            // In a circle on the way it goes no farther than the walk.
+            if (isCircle()) last = Math.max(limit, look.looks() + instances.members() * 2);
             boolean isFirst = plan == FIRST || plan == FIRST_ALONE;
             boolean isWide = plan == WIDE || plan == WIDER;
             int tested = isCircle() ? instances.member(instances.members() - 1) : goal;
@@ -3086,7 +3132,7 @@ public final class Overloadery {
             instances.clearMembers();
             if (found == Ways.UNKNOWN) {
                 isCut = true;
-                assume(top);
+                if (look.looks() < limit) assume(top);
             }
             if (found != Ways.NO_WAY) return;
             if (depth > 0) {
@@ -3117,8 +3163,9 @@ public final class Overloadery {
         private static final int NEXT = 2;
         private static final int GUESS = 3;
         private static final int CLASH = 4;
-        private static final int END = 5;
-        private static final int DONE = 6;
+        private static final int NEXT_SUBJECT = 5;
+        private static final int END = 6;
+        private static final int DONE = 7;
 
         /** The row of a member: the first of those who depend on it, who is queued there, and what is noted of it. */
         private static final int EDGE = 0;
@@ -3228,9 +3275,10 @@ public final class Overloadery {
 
         private void test(int id) {
             subject = id;
-            untested = instances.whole(id);
+            untested = Instances.ALL;
             tested = 0;
             survivors = 0;
+            phase = NEXT;
         }
 
         /** Begins to find the bodies of all members, if just one body of the goal goes. */
@@ -3278,6 +3326,7 @@ public final class Overloadery {
                 case NEXT: next(); break;
                 case GUESS: tryNext(); break;
                 case CLASH: goBack(); break;
+                case NEXT_SUBJECT: nextSubject(); break;
                 default: finish();
             }
         }
@@ -3316,11 +3365,14 @@ public final class Overloadery {
                 return;
             }
             if (subject == goal) trailed = 0;
-            do {
-                subjectPlace--;
-            } while (subjectPlace >= 0 && Instances.isSingle(instances.set(instances.member(subjectPlace))));
-            if (subjectPlace < 0) end(ONE);
-            else test(instances.member(subjectPlace));
+            phase = NEXT_SUBJECT;
+        }
+
+        private void nextSubject() {
+            subjectPlace--;
+            int next = subjectPlace < 0 ? NONE : instances.member(subjectPlace);
+            if (next == NONE) end(ONE);
+            else if (!Instances.isSingle(instances.set(next))) test(next);
         }
 
         /** Puts a guess for an instance, to try some bodies. */
@@ -3330,7 +3382,7 @@ public final class Overloadery {
                 return;
             }
             if ((guessed + 1) * ROW > guesses.length) {
-                guesses = Arrays.copyOf(guesses, Math.max(FEW * ROW, guesses.length << MORE));
+                guesses = Arrays.copyOf(guesses, Math.max(FEW * ROW, Math.min(MOST * ROW, guesses.length << MORE)));
             }
             int at = guessed * ROW;
             guesses[at + GUESSED] = id;
@@ -3361,7 +3413,10 @@ public final class Overloadery {
 
         /** Lets a member have fewer bodies, for some guesses, and queues those who depend on it. */
         private void narrow(int id, int set, long reasons) {
-            if ((trailed + 1) * 2 > trail.length) trail = Arrays.copyOf(trail, Math.max(FEW * 2, trail.length << MORE));
+            if ((trailed + 1) * 2 > trail.length) {
+                int most = Math.min(MOST_TRAILED * 2, trail.length << MORE);
+                trail = Arrays.copyOf(trail, Math.max(FEW * 2, most));
+            }
             trail[trailed * 2] = (long) id << Instances.BODIES | instances.set(id);
             trail[trailed * 2 + 1] = instances.reasons(id);
             trailed++;
@@ -3412,7 +3467,8 @@ public final class Overloadery {
                 int other = look.stopId(i);
                 if (other == NONE || !instances.isMember(other)) continue;
                 if ((edgeCount + 1) * 2 > edges.length) {
-                    edges = Arrays.copyOf(edges, Math.max(FEW * 2, edges.length << MORE));
+                    int most = Math.min(MOST_EDGES * 2, edges.length << MORE);
+                    edges = Arrays.copyOf(edges, Math.max(FEW * 2, most));
                 }
                 int at = instances.place(other) * MEMBER + EDGE;
                 edges[edgeCount * 2] = one;
@@ -3910,18 +3966,24 @@ public final class Overloadery {
         private static final int SMALLEST = 1;
         private static final int LATEST = 2;
 
-        private static final int STEPS = 1 << 9;
+        private static final int STEPS = 1 << 8;
+        private static final int FARTHER = 3;
+        /** How far it goes at last if there is never a choice. */
+        private static final int LINE_STEPS = 1 << 26;
         private static final int LOOKS = 1 << 14;
         private static final int MORE_LOOKS = 2;
-        private static final int FARTHER = 3;
-        /** How many in a line may be met without being noted; after how many steps a body is found. */
+        /** How many in a line may be met without being noted, also if there is less room; after how many a body is found. */
         private static final int RUN = 16;
+        private static final int LONG_RUN = 1 << 8;
         private static final int TURN = 16;
         private static final int FEW = 1 << 6;
         private static final int MORE = 5;
         private static final int MOST_NOTED = 1 << 19;
         private static final int MOST_PENDING = 1 << 15;
         private static final int MOST_UNKNOWN = 64;
+        /** How many bodies are assumed at once, and how often. */
+        static final int DEPTH = 4;
+        private static final int MOST_RUNS = 1 << 9;
 
         /** Behind the queues of the sizes are those of the instances whose bodies are to be found, by levels. */
         private static final int OPEN = Types.LARGEST + 1;
@@ -3935,6 +3997,7 @@ public final class Overloadery {
         private final Types types;
         private final Hierarchy hierarchy;
         private final Templates templates;
+        private final Instances instances;
         private final Look look;
         /** The classes that were asked for, those that are not met yet; the namespaces of those that were; all as bits. */
         private int asked;
@@ -3944,8 +4007,11 @@ public final class Overloadery {
         private int order;
         private int steps;
         private int others;
+        private int runs;
+        private int assumed;
         private int openLevel;
         private boolean isCut;
+        private boolean isForked;
         /** Numbers that tell apart the instances that were met; each walk has a number of its own. */
         private long[] noted = new long[FEW];
         private int count;
@@ -3961,10 +4027,11 @@ public final class Overloadery {
         private final long[] unknown = new long[MOST_UNKNOWN * NEXT];
         private int unknowns;
 
-        Walk(Types types, Hierarchy hierarchy, Templates templates, Look look) {
+        Walk(Types types, Hierarchy hierarchy, Templates templates, Instances instances, Look look) {
             this.types = types;
             this.hierarchy = hierarchy;
             this.templates = templates;
+            this.instances = instances;
             this.look = look;
         }
 
@@ -3990,6 +4057,11 @@ public final class Overloadery {
             return !isCut;
         }
 
+        /** Whether there was a choice where to go on, so that another order may lead elsewhere. */
+        boolean isForked() {
+            return isForked;
+        }
+
         int openLevel() {
             return openLevel;
         }
@@ -3999,8 +4071,10 @@ public final class Overloadery {
             this.order = order;
             unknowns = 0;
             others = 0;
+            runs = 0;
             clear();
             isCut = false;
+            isForked = false;
         }
 
         private void clear() {
@@ -4048,6 +4122,7 @@ public final class Overloadery {
             pending[at * ROW + 1] = types.second;
             pending[at * ROW + 2] = types.third | (long) run << RUN_AT;
             last = at;
+            if (used > 1 || queue >= OPEN) isForked = true;
             boolean isFirst = order == LATEST || firsts[queue] == NONE;
             pending[at * ROW + NEXT] = isFirst ? firsts[queue] : NONE;
             if (isFirst) firsts[queue] = at;
@@ -4089,6 +4164,11 @@ public final class Overloadery {
         }
 
         private void note(long number) {
+            if (isFull()) {
+                // There is no room: another one is forgotten, and may be met again.
+                noted[(int) number & noted.length - 1] = number;
+                return;
+            }
             if (count > noted.length - noted.length / 4 && noted.length < MOST_NOTED) grow();
             enter(number);
             count++;
@@ -4133,9 +4213,15 @@ public final class Overloadery {
 
         // ---- the walk
 
+        private boolean mayGoOn() {
+            if (isFull() && order != LATEST) return false;
+            int most = STEPS << FARTHER * level;
+            return steps < (level == Descent.LEVELS - 1 && !isForked ? LINE_STEPS : most);
+        }
+
         /** Goes on until the body of an instance must be found, and tells whether one must. */
         boolean goesOn() {
-            while (wanted != 0 && steps < STEPS << FARTHER * level && !isFull()) {
+            while (wanted != 0 && mayGoOn()) {
                 int run = taken();
                 if (run == NONE) return false;
                 steps++;
@@ -4177,39 +4263,55 @@ public final class Overloadery {
         }
 
         /**
-         * Meets what is met behind each base that an instance can have whose body could not be found. Behind such a base
-         * there may be other ones like that, so this calls itself, so often at most.
+         * Meets what is met whatever body an instance has whose body could not be found: each one is assumed, and with it
+         * what follows for others. There may be such ones again, so this calls itself, so often at most.
          */
-        void meetBehindUnknown(int from, int depth) {
+        void meetAnyway(int depth) {
             int end = unknowns;
-            for (int i = from; i < end && wanted != 0 && depth > 0; i++) {
+            for (int i = 0; i < end && wanted != 0 && runs < MOST_RUNS; i++) {
                 int before = found;
                 int common = NONE;
-                int bodies = Instances.ALL;
+                int decider = deciderOf(i);
+                int bodies = decider == NONE ? 0 : look.deciding();
                 for (int body = 0; body < Instances.BODIES && (common & ~before) != 0; body++) {
-                    int place = Types.WALKED * Types.WIDTH;
-                    types.unpack(unknown[i * NEXT], unknown[i * NEXT + 1], unknown[i * NEXT + 2], Types.WALKED);
-                    if (body == 0) bodies = look.setAt(place);
                     if ((bodies >> body & 1) == 0) continue;
+                    runs++;
+                    assumed++;
+                    instances.putDepth(assumed);
+                    instances.putSet(decider, 1 << body);
                     found = before;
                     findWanted();
-                    startRound();
-                    int base = look.baseAt(place, body, Types.OTHER);
-                    if (base != NONE) put(base);
-                    goAround();
-                    meetBehindUnknown(end, depth - 1);
+                    goAround(end);
+                    if (depth > 1) meetAnyway(depth - 1);
                     unknowns = end;
                     common &= found;
+                    instances.forgetAssumed(NONE, 0, 0);
+                    assumed--;
+                    instances.putDepth(assumed);
                 }
-                found = before | common;
+                found = common == NONE ? before : before | common;
                 findWanted();
             }
         }
 
-        /** Goes as far as it can go without bodies that must be found. */
-        private void goAround() {
+        /** The instance that decides which body an unknown one has; NONE if this is known. */
+        private int deciderOf(int at) {
+            types.unpack(unknown[at * NEXT], unknown[at * NEXT + 1], unknown[at * NEXT + 2], Types.WALKED);
+            if (Instances.isSingle(look.setAt(Types.WALKED * Types.WIDTH))) return NONE;
+            if (look.decider() != NONE) return look.decider();
+            instances.makeRoom();
+            return instances.put(types.first, types.second, types.third, look.deciding());
+        }
+
+        /** Goes from the first unknown ones as far as it can go without bodies that must be found. */
+        private void goAround(int end) {
+            startRound();
+            for (int i = 0; i < end; i++) {
+                types.unpack(unknown[i * NEXT], unknown[i * NEXT + 1], unknown[i * NEXT + 2], Types.WALKED);
+                goesBehind(Types.WALKED * Types.WIDTH);
+            }
             int most = STEPS << FARTHER * level >> FARTHER;
-            while (wanted != 0 && steps < most && others < STEPS << FARTHER * level && !isFull()) {
+            while (wanted != 0 && steps < most && others < STEPS << FARTHER * level && mayGoOn()) {
                 int run = taken();
                 if (run == NONE) return;
                 steps++;
@@ -4235,6 +4337,8 @@ public final class Overloadery {
                 if ((templates.classesBehind(Types.templateOf(token)) & wanted) == 0) continue;
                 types.pack(place);
                 long number = number();
+                steps++;
+                others++;
                 if (isNoted(number)) continue;
                 sources[sourceCount] = number;
                 if (!goesBehind(place)) {
@@ -4244,7 +4348,7 @@ public final class Overloadery {
                     opened++;
                 }
             }
-            boolean isLine = sourceCount == 1 && opened == 0 && run < RUN;
+            boolean isLine = sourceCount == 1 && opened == 0 && run < (count < MOST_NOTED / 2 ? RUN : LONG_RUN);
             for (int i = 0; i < sourceCount && !isLine; i++) {
                 note(sources[i]);
             }
