@@ -27,6 +27,8 @@ public final class Overloadery {
     private static final int RUNS = 1 << 12;
     private static final int ROUNDS = 1 << 6;
     private static final int LOOKS = 1 << 25;
+    /** How many bodies are looked for on a walk at most. */
+    private static final int MOST_OPEN = 1 << 24;
 
     private final Types table;
     private final Hierarchy hierarchy;
@@ -434,10 +436,12 @@ public final class Overloadery {
                     continue;
                 }
                 isNew = isLast;
-                for (int i = 1; i < look.stops(); i++) {
-                    long second = look.stopWord(i, 1);
-                    if (isLast) descent.settleAtLeast(look.stopWord(i, 0), second, look.stopWord(i, 2));
-                    else if (descent.finds(look.stopWord(i, 0), second, look.stopWord(i, 2), level)) isNew = true;
+                for (int i = 1; i < look.supposals().count(); i++) {
+                    long first = look.supposals().askedWord(i, 0);
+                    long second = look.supposals().askedWord(i, 1);
+                    long third = look.supposals().askedWord(i, 2);
+                    if (isLast) descent.settleAtLeast(first, second, third);
+                    else if (descent.finds(first, second, third, level)) isNew = true;
                 }
             }
         }
@@ -462,7 +466,7 @@ public final class Overloadery {
                 walk.put(call.argument(j));
             }
             int last = descent.looks() + walk.mostLooks();
-            while (walk.goesOn()) {
+            for (int j = 0; j < MOST_OPEN && walk.goesOn(); j++) {
                 walk.packOpen();
                 int level = descent.looks() < last ? walk.openLevel() : Descent.LEVELS;
                 boolean isFound = level < Descent.LEVELS && descent.finds(table.first, table.second, table.third, level);
@@ -1549,6 +1553,16 @@ public final class Overloadery {
         static final int MOST = 1 << 19;
         private static final int CROWD = MOST - MOST / 4;
         static final int MOST_MEMBERS = 1 << 15;
+        private static final int MOST_MET = 1 << 7;
+        private static final int MOST_EDGES = 1 << 17;
+
+        /** What is noted of a member: the first of those who depend on it, who is queued at its place, and two truths. */
+        private static final int EDGE = 0;
+        private static final int QUEUED = 1;
+        private static final int NOTED = 2;
+        private static final int LINK = 3;
+        private static final int IS_QUEUED = 1;
+        private static final int IS_LINKED = 2;
 
         private int count;
         private long[] rows = new long[FEW * ROW];
@@ -1558,10 +1572,19 @@ public final class Overloadery {
         private int map;
         /** How much is assumed; what is found then is noted with it. */
         private int depth;
+        /** Those that were found since this is noted, unless they are too many. */
+        private final int[] met = new int[MOST_MET];
+        private int metCount;
         /** Those for which bodies are tried, and the guesses on which the bodies of each depend, as bits. */
         private int members;
         private int[] memberRow = new int[0];
         private long[] reasons = new long[0];
+        /** Who depends on them, and the queue of those that are to be looked at. */
+        private int[] links = new int[0];
+        private int[] edges = new int[0];
+        private int edgeCount;
+        private int queueStart;
+        private int queued;
 
         static boolean isSingle(int set) {
             return (set & set - 1) == 0;
@@ -1624,11 +1647,25 @@ public final class Overloadery {
             int mask = index.length - 1;
             int at = (int) mixed & mask;
             for (int i = 0; i <= mask && index[at] != 0; i++) {
-                int row = (index[at] - 1) * ROW;
-                if (rows[row] == one && rows[row + 1] == two && rows[row + 2] == three) return index[at] - 1;
+                int id = index[at] - 1;
+                if (rows[id * ROW] == one && rows[id * ROW + 1] == two && rows[id * ROW + 2] == three) {
+                    if (metCount < MOST_MET) met[metCount++] = id;
+                    return id;
+                }
                 at = at + 1 & mask;
             }
             return NONE;
+        }
+
+        void clearMet() {
+            metCount = 0;
+        }
+
+        /** Holds all those that were found since clearMet(). */
+        void holdMet() {
+            for (int i = 0; i < metCount; i++) {
+                hold(met[i]);
+            }
         }
 
         /** Puts an instance that is not there yet; NONE if there is no room. */
@@ -1902,6 +1939,7 @@ public final class Overloadery {
             if (members == memberRow.length) {
                 memberRow = Arrays.copyOf(memberRow, Math.min(MOST_MEMBERS, Math.max(FEW, members << MORE)));
                 reasons = Arrays.copyOf(reasons, memberRow.length);
+                links = new int[memberRow.length * LINK];
             }
             int at = id * ROW + MARKS;
             rows[at] = rows[at] & (1L << PLACE_AT) - 1 | (long) members << PLACE_AT;
@@ -1915,6 +1953,67 @@ public final class Overloadery {
             return place < members && memberRow[place] == id;
         }
 
+        /** Queues all members, of none of whom is known who depends on them. */
+        void queueAll() {
+            edgeCount = 0;
+            queueStart = 0;
+            queued = members;
+            for (int i = 0; i < members; i++) {
+                links[i * LINK + EDGE] = NONE;
+                links[i * LINK + QUEUED] = i;
+                links[i * LINK + NOTED] = IS_QUEUED;
+            }
+        }
+
+        void queue(int place) {
+            if ((links[place * LINK + NOTED] & IS_QUEUED) != 0) return;
+            links[place * LINK + NOTED] |= IS_QUEUED;
+            int end = queueStart + queued;
+            if (end >= members) end -= members;
+            links[end * LINK + QUEUED] = place;
+            queued++;
+        }
+
+        /** Queues a member and those who depend on it. */
+        void queueFrom(int id) {
+            int place = place(id);
+            queue(place);
+            int edge = links[place * LINK + EDGE];
+            for (int i = 0; i < edgeCount && edge != NONE; i++) {
+                queue(edges[edge * 2]);
+                edge = edges[edge * 2 + 1];
+            }
+        }
+
+        /** The place of the next member of the queue, who leaves it; NONE if there is none. */
+        int nextQueued() {
+            if (queued == 0) return NONE;
+            int place = links[queueStart * LINK + QUEUED];
+            queueStart = queueStart + 1 == members ? 0 : queueStart + 1;
+            queued--;
+            links[place * LINK + NOTED] &= ~IS_QUEUED;
+            return place;
+        }
+
+        /** Whether it is noted on whom a member depends; it is from now on. */
+        boolean isLinked(int place) {
+            boolean isLinked = (links[place * LINK + NOTED] & IS_LINKED) != 0;
+            links[place * LINK + NOTED] |= IS_LINKED;
+            return isLinked;
+        }
+
+        /** Notes that a member depends on another one. */
+        void link(int place, int other) {
+            if (!isMember(other) || edgeCount == MOST_EDGES) return;
+            if ((edgeCount + 1) * 2 > edges.length) {
+                edges = Arrays.copyOf(edges, Math.max(FEW, Math.min(MOST_EDGES * 2, edges.length << MORE)));
+            }
+            int at = place(other) * LINK + EDGE;
+            edges[edgeCount * 2] = place;
+            edges[edgeCount * 2 + 1] = links[at];
+            links[at] = edgeCount++;
+        }
+
         /** The guesses on which the body of an instance depends, as bits. */
         long reasons(int id) {
             int place = (int) (rows[id * ROW + MARKS] >> PLACE_AT);
@@ -1924,6 +2023,147 @@ public final class Overloadery {
         /** The same for one that is a member. */
         void putReasons(int id, long guesses) {
             reasons[(int) (rows[id * ROW + MARKS] >> PLACE_AT)] = guesses;
+        }
+    }
+
+    /**
+     * Those for whom a body is supposed, and which one. The first of them is the instance that is looked at. All that can
+     * be supposed comes in turn: what was supposed last changes first.
+     */
+    private static final class Supposals {
+        static final int MOST = 40;
+        private static final int WORDS = 6;
+        /** Where the words of the instance are whose body was asked for, while another one decides on that. */
+        private static final int ASKED = 3;
+        /** The row of one: its place among the instances or NONE, its bodies, and that which is supposed, or NONE. */
+        private static final int SET = 1;
+        private static final int SUPPOSED = 2;
+        private static final int ROW = 3;
+
+        private final long[] words = new long[MOST * WORDS];
+        private final int[] rows = new int[MOST * ROW];
+        private int count;
+        /** For whom something is supposed, in this order, and what is left to suppose. */
+        private final int[] order = new int[MOST * 2];
+        private int supposed;
+        /** Whether there were too many. */
+        private boolean isOver;
+
+        int count() {
+            return count;
+        }
+
+        int id(int at) {
+            return rows[at * ROW];
+        }
+
+        int set(int at) {
+            return rows[at * ROW + SET];
+        }
+
+        /** What is supposed, NONE for nothing. */
+        int body(int at) {
+            return rows[at * ROW + SUPPOSED];
+        }
+
+        long word(int at, int word) {
+            return words[at * WORDS + word];
+        }
+
+        /** A word of the instance for whose body one was put. */
+        long askedWord(int at, int word) {
+            return words[at * WORDS + ASKED + word];
+        }
+
+        /** Notes for whose body one was put. */
+        void putAsked(int at, long one, long two, long three) {
+            words[at * WORDS + ASKED] = one;
+            words[at * WORDS + ASKED + 1] = two;
+            words[at * WORDS + ASKED + 2] = three;
+        }
+
+        boolean isOver() {
+            return isOver;
+        }
+
+        void setOver() {
+            isOver = true;
+        }
+
+        /** Lets the first one be an instance that is told by its words. */
+        void putFirst(long one, long two, long three, int id) {
+            words[0] = one;
+            words[1] = two;
+            words[2] = three;
+            rows[0] = id;
+        }
+
+        /** Forgets all but so many of them, and what is supposed. */
+        void clear(int left) {
+            count = left;
+            supposed = 0;
+            isOver = false;
+            for (int i = 0; i < left; i++) {
+                rows[i * ROW + SUPPOSED] = NONE;
+            }
+        }
+
+        /** Drops those behind the first ones, for whom nothing is supposed yet. */
+        void drop(int left) {
+            count = left;
+        }
+
+        /** The place of one here, who is put if need be; NONE if there are too many. */
+        int place(long one, long two, long three, int id, int set) {
+            int place = NONE;
+            for (int i = 0; i < count && place == NONE; i++) {
+                int at = i * WORDS;
+                if (words[at] == one && words[at + 1] == two && words[at + 2] == three) place = i;
+            }
+            if (place == NONE && count == MOST) return NONE;
+            if (place == NONE) {
+                place = count++;
+                words[place * WORDS] = one;
+                words[place * WORDS + 1] = two;
+                words[place * WORDS + 2] = three;
+                rows[place * ROW] = id;
+                rows[place * ROW + SUPPOSED] = NONE;
+            }
+            rows[place * ROW + SET] = set;
+            return place;
+        }
+
+        /** The body that is supposed for one, the first that there is if there is none yet. */
+        int bodyOf(int at) {
+            if (at == NONE) {
+                isOver = true;
+                return Instances.UNSURE;
+            }
+            int row = at * ROW;
+            if (rows[row + SUPPOSED] == NONE) {
+                rows[row + SUPPOSED] = Instances.code(rows[row + SET]);
+                order[supposed * 2] = at;
+                order[supposed * 2 + 1] = rows[row + SET] & rows[row + SET] - 1;
+                supposed++;
+            }
+            return rows[row + SUPPOSED];
+        }
+
+        /** Goes on to suppose something else; false if there is nothing else. */
+        boolean advances() {
+            while (supposed > 0 && !isOver) {
+                int at = (supposed - 1) * 2;
+                int row = order[at] * ROW;
+                int left = order[at + 1];
+                if (left != 0) {
+                    rows[row + SUPPOSED] = Instances.code(left);
+                    order[at + 1] = left & left - 1;
+                    return true;
+                }
+                rows[row + SUPPOSED] = NONE;
+                supposed--;
+            }
+            return false;
         }
     }
 
@@ -1940,15 +2180,9 @@ public final class Overloadery {
         private static final int OPEN_STEPS = -3;
         private static final int PATHS = 1 << 18;
 
-        /** How many bodies are supposed at once, and how often; what needs more must be found in parts. */
-        static final int MOST = 40;
-        static final int MOST_OPEN = Templates.EACH * PARAMETERS;
+        /** How often bodies are supposed; what needs more must be found in parts. */
         private static final int RUNS = 1 << 10;
-        private static final int MOST_MET = 1 << 7;
-        private static final int WORDS = 3;
-        private static final int SET = 1;
-        private static final int SUPPOSED = 2;
-        private static final int ROW = 3;
+        static final int MOST_OPEN = Templates.EACH * PARAMETERS;
         /**
          * A constraint that is open: the specialisation, the classes to which a type must lead, the place of the one on the
          * way whose body is not known, how many steps there are to it, for whom something is supposed there, and how that
@@ -1957,7 +2191,7 @@ public final class Overloadery {
         private static final int CLASSES = 1;
         private static final int PLACE = 2;
         private static final int STEP = 3;
-        private static final int STOP = 4;
+        private static final int OTHER = 4;
         private static final int MAP = 5;
         private static final int ASKED = 6;
         /** A body as a set, once for each body that can be supposed of another one. */
@@ -1967,27 +2201,16 @@ public final class Overloadery {
         private final Hierarchy hierarchy;
         private final Templates templates;
         private final Instances instances;
-        /**
-         * Those for which something is supposed: the words of each one; its place among the instances or NONE, its bodies,
-         * and that which is supposed, or NONE. The first one is that which is looked at.
-         */
-        private final long[] words = new long[MOST * WORDS];
-        private final int[] rows = new int[MOST * ROW];
-        private int stops;
-        /** For whom something is supposed, in this order, and what is left to suppose. */
-        private final int[] supposals = new int[MOST * 2];
-        private int supposed;
+        private final Supposals supposals = new Supposals();
         private boolean doesSuppose;
         private boolean isCareful;
-        private boolean isOver;
         private final int[] asked = new int[MOST_OPEN * ASKED];
         private int open;
         /** Where it was not known to what a type leads. */
         private int reached;
         private int reachedStep;
-        /** The instances on a way to bases, and the bodies that are left to go by. */
-        private final int[] places = new int[STEPS + 1];
-        private final int[] bodies = new int[STEPS + 1];
+        /** The instances on a way to bases, each with the bodies that are left to go by. */
+        private final int[] way = new int[(STEPS + 1) * 2];
         /** What was found of the one that was looked at: its bodies; for each body of the only other one, its own ones. */
         private int template;
         private int sure;
@@ -1996,9 +2219,6 @@ public final class Overloadery {
         private boolean isStrict;
         private long reasons;
         private int looks;
-        /** The instances that were met in the last look, unless they are too many. */
-        private final int[] met = new int[MOST_MET];
-        private int metCount;
         /** On whose bodies those depend that were asked for last: its place or NONE, its bodies, and how. */
         private int decider;
         private int deciding;
@@ -2031,36 +2251,17 @@ public final class Overloadery {
 
         /** Whether too much had to be supposed, so that something may be missing. */
         boolean isOver() {
-            return isOver;
+            return supposals.isOver();
         }
 
         /** Whether the one that was looked at has no body for something that was supposed of others. */
         boolean isStrict() {
-            return isStrict && stops > 1 && !isOver;
+            return isStrict && supposals.count() > 1 && !supposals.isOver();
         }
 
-        /** How many there are for which something was supposed; the first one is that which was looked at. */
-        int stops() {
-            return stops;
-        }
-
-        int stopId(int at) {
-            return rows[at * ROW];
-        }
-
-        int stopSet(int at) {
-            return rows[at * ROW + SET];
-        }
-
-        long stopWord(int at, int word) {
-            return words[at * WORDS + word];
-        }
-
-        /** Holds all instances on which the one that was looked at depends, whether their bodies are known or not. */
-        void holdMet() {
-            for (int i = 0; i < metCount; i++) {
-                instances.hold(met[i]);
-            }
+        /** Those for whom something was supposed; the first one is that which was looked at. */
+        Supposals supposals() {
+            return supposals;
         }
 
         /** The body that the one that was looked at has if no open constraint holds. */
@@ -2070,11 +2271,11 @@ public final class Overloadery {
 
         /** How the one that was looked at follows from the only other one, as a map; NONE if it does not. */
         int mapFromOther() {
-            if (stops != 2 || isOver) return NONE;
+            if (supposals.count() != 2 || supposals.isOver()) return NONE;
             int map = 0;
             for (int i = 0; i < Instances.BODIES; i++) {
                 int own = (int) (byOther >> i * Instances.BODIES) & Instances.ALL;
-                boolean isThere = (stopSet(1) >> i & 1) == 1;
+                boolean isThere = (supposals.set(1) >> i & 1) == 1;
                 if (isThere && (own == 0 || !Instances.isSingle(own))) return NONE;
                 map |= (isThere ? Instances.code(own) : Instances.NOWHERE) << i * 3;
             }
@@ -2085,46 +2286,39 @@ public final class Overloadery {
         void begin(boolean isCareful) {
             templates.findEnds();
             aim(NONE, NONE, NONE, NONE);
-            forget();
+            supposals.clear(1);
             doesSuppose = true;
             this.isCareful = isCareful;
         }
 
-        private void forget() {
-            stops = 1;
-            rows[SET] = 0;
-            rows[SUPPOSED] = NONE;
-            supposed = 0;
-            isOver = false;
-            reasons = 0;
+        boolean advances() {
+            return supposals.advances();
         }
 
         void aim(long one, long two, long three, int id) {
-            words[0] = one;
-            words[1] = two;
-            words[2] = three;
-            rows[0] = id;
+            supposals.putFirst(one, two, three, id);
         }
 
         void aimAt(int id) {
             aim(instances.word(id, 0), instances.word(id, 1), instances.word(id, 2), id);
         }
 
-        /** Aims at one for which something was supposed. */
-        void aimAtStop(int at) {
-            aim(words[at * WORDS], words[at * WORDS + 1], words[at * WORDS + 2], rows[at * ROW]);
+        /** Aims at the only other one for whom something was supposed. */
+        void aimAtOther() {
+            aim(supposals.word(1, 0), supposals.word(1, 1), supposals.word(1, 2), supposals.id(1));
         }
 
         /** Looks at the one at which it is aimed; once more with care if too much is to be supposed. */
         void look() {
             looks++;
-            types.unpack(words[0], words[1], words[2], Types.OWN);
+            types.unpack(supposals.word(0, 0), supposals.word(0, 1), supposals.word(0, 2), Types.OWN);
             int own = Types.OWN * Types.WIDTH;
             template = Types.templateOf(types.tokens[own]);
-            isOver = true;
-            metCount = 0;
-            for (int turn = 0; turn < 2 && isOver; turn++) {
-                forget();
+            instances.clearMet();
+            supposals.setOver();
+            for (int turn = 0; turn < 2 && supposals.isOver(); turn++) {
+                supposals.clear(1);
+                reasons = 0;
                 isCareful = turn > 0;
                 doesSuppose = false;
                 isStrict = false;
@@ -2154,7 +2348,7 @@ public final class Overloadery {
             int fits = templates.fits(Types.FITTING, constraints);
             if (fits != OPEN) return fits;
             int before = open;
-            int stopsBefore = stops;
+            int countBefore = supposals.count();
             for (int i = 0; i < PARAMETERS; i++) {
                 int classes = templates.wanted(constraints, i);
                 if (classes == 0) continue;
@@ -2162,7 +2356,7 @@ public final class Overloadery {
                 int leads = isCareful ? byAll(place, classes, NONE) : leads(place, 0, classes);
                 if (leads == NO) {
                     open = before;
-                    stops = stopsBefore;
+                    supposals.drop(countBefore);
                     return NO;
                 }
                 if (leads == OPEN && isCareful) leads(place, 0, classes);
@@ -2176,7 +2370,7 @@ public final class Overloadery {
             asked[row] = specialisation;
             asked[row + CLASSES] = classes;
             asked[row + STEP] = reachedStep;
-            asked[row + STOP] = stopOfDecider();
+            asked[row + OTHER] = placeOfDecider();
             asked[row + MAP] = map;
             asked[row + PLACE] = reached;
             if (reachedStep > 0) {
@@ -2196,55 +2390,38 @@ public final class Overloadery {
             for (int run = 0; run < RUNS && goesOn; run++) {
                 int fitting = sure;
                 int rest = maybe;
-                int possible = 0;
-                for (int i = 0; i < open && (i == 0 || !Instances.isSingle(possible)); ) {
-                    int specialisation = asked[i * ASKED];
-                    boolean holds = true;
-                    for (; i < open && asked[i * ASKED] == specialisation; i++) {
-                        int row = i * ASKED;
-                        if (!holds) continue;
-                        int body = Instances.mapped(asked[row + MAP], supposedAt(asked[row + STOP]));
+                int possible = Instances.ALL;
+                boolean holds = true;
+                for (int i = 0; i < open && !Instances.isSingle(possible); i++) {
+                    int row = i * ASKED;
+                    if (holds) {
+                        int body = Instances.mapped(asked[row + MAP], supposals.bodyOf(asked[row + OTHER]));
                         int at = baseAt(asked[row + PLACE], body, Types.CHAIN + asked[row + STEP]);
                         holds = at != NONE && leads(at, asked[row + STEP] + 1, asked[row + CLASSES]) == YES;
                     }
-                    rest &= ~(1 << specialisation);
-                    if (holds) fitting |= 1 << specialisation;
+                    if (i + 1 < open && asked[row + ASKED] == asked[row]) continue;
+                    rest &= ~(1 << asked[row]);
+                    if (holds) fitting |= 1 << asked[row];
                     possible = templates.possible(template, fitting, rest);
+                    holds = true;
                 }
-                noteRun(possible);
-                all |= rows[SUPPOSED] == NONE ? possible : possible & 1 << rows[SUPPOSED];
-                goesOn = advances();
+                int own = supposals.body(0);
+                if (own == NONE || (possible >> own & 1) == 1) {
+                    all |= possible;
+                    noteByOther(possible);
+                } else {
+                    isStrict = true;
+                }
+                goesOn = supposals.advances();
             }
-            if (goesOn) isOver = true;
-            if (!isOver) set = all;
+            if (goesOn) supposals.setOver();
+            if (!supposals.isOver()) set = all;
         }
 
-        /** Notes which body follows from what is supposed of the only other one; if it can't be, it must not be supposed. */
-        private void noteRun(int possible) {
-            int own = rows[SUPPOSED];
-            if (own != NONE && (possible >> own & 1) == 0) {
-                isStrict = true;
-                return;
-            }
-            int other = stops > 1 ? rows[ROW + SUPPOSED] : NONE;
+        /** Notes which body follows from what is supposed of the only other one. */
+        private void noteByOther(int possible) {
+            int other = supposals.count() > 1 ? supposals.body(1) : NONE;
             byOther |= other == NONE ? FOR_ALL * possible : (long) possible << other * Instances.BODIES;
-        }
-
-        /** Goes on to suppose something else; false if there is nothing else. */
-        boolean advances() {
-            while (supposed > 0 && !isOver) {
-                int at = (supposed - 1) * 2;
-                int row = supposals[at] * ROW;
-                int left = supposals[at + 1];
-                if (left != 0) {
-                    rows[row + SUPPOSED] = Instances.code(left);
-                    supposals[at + 1] = left & left - 1;
-                    return true;
-                }
-                rows[row + SUPPOSED] = NONE;
-                supposed--;
-            }
-            return false;
         }
 
         /**
@@ -2265,7 +2442,8 @@ public final class Overloadery {
                     return OPEN;
                 }
                 boolean isKnown = Instances.isSingle(bodies);
-                int body = isKnown ? Instances.code(bodies) : Instances.mapped(map, supposedAt(stopOfDecider()));
+                int body = isKnown ? Instances.code(bodies) : supposals.bodyOf(placeOfDecider());
+                if (!isKnown) body = Instances.mapped(map, body);
                 at = baseAt(at, body, Types.CHAIN + step);
                 if (at == NONE) return NO;
             }
@@ -2316,23 +2494,23 @@ public final class Overloadery {
             int open = target == NONE ? OPEN : OPEN_STEPS;
             int found = open;
             int step = 0;
-            places[0] = type;
-            bodies[0] = Types.isInstance(types.tokens[type]) ? setAt(type) : 0;
-            if (bodies[0] == 0 || target != NONE && types.isSame(type, target)) return open;
+            way[0] = type;
+            way[1] = Types.isInstance(types.tokens[type]) ? setAt(type) : 0;
+            if (way[1] == 0 || target != NONE && types.isSame(type, target)) return open;
             for (int i = 0; i < PATHS && step >= 0; i++) {
-                if (bodies[step] == 0) {
+                int left = way[step * 2 + 1];
+                if (left == 0) {
                     step--;
                     continue;
                 }
-                int body = Instances.code(bodies[step]);
-                bodies[step] &= bodies[step] - 1;
-                int base = baseAt(places[step], body, Types.CHAIN + step);
+                way[step * 2 + 1] = left & left - 1;
+                int base = baseAt(way[step * 2], Instances.code(left), Types.CHAIN + step);
                 boolean isInstance = base != NONE && Types.isInstance(types.tokens[base]) && step + 1 < STEPS;
                 boolean isThere = base != NONE && target != NONE && types.isSame(base, target);
                 if (isInstance && !isThere) {
                     step++;
-                    places[step] = base;
-                    bodies[step] = setAt(base);
+                    way[step * 2] = base;
+                    way[step * 2 + 1] = setAt(base);
                     continue;
                 }
                 int leads = base == NONE ? target == NONE ? NO : NONE : endOf(base, step + 1, classes, target);
@@ -2374,12 +2552,12 @@ public final class Overloadery {
             long mixed = Instances.mixed(types.first, types.second, types.third);
             int id = instances.find(types.first, types.second, types.third, mixed);
             if (id == NONE) return all;
-            if (metCount < MOST_MET) met[metCount++] = id;
             decider = instances.follow(id);
             map = instances.map();
             reasons |= instances.reasons(decider);
-            int known = instances.set(decider);
-            deciding = decider == id && !instances.isSettled(id) ? known & all : known;
+            deciding = instances.set(decider);
+            if (decider != id) deciding &= Instances.origin(map, Instances.ALL);
+            else if (!instances.isSettled(id)) deciding &= all;
             return Instances.image(map, deciding);
         }
 
@@ -2395,44 +2573,19 @@ public final class Overloadery {
         /** The body of the instance whose bodies were asked for last: the only one, or that which is supposed. */
         int supposedOf(int bodies) {
             if (Instances.isSingle(bodies)) return Instances.code(bodies);
-            return Instances.mapped(map, supposedAt(stopOfDecider()));
+            return Instances.mapped(map, supposals.bodyOf(placeOfDecider()));
         }
 
-        /** The body that is supposed, the first one if there is none yet. */
-        private int supposedAt(int stop) {
-            if (stop == NONE) {
-                isOver = true;
-                return Instances.UNSURE;
-            }
-            int row = stop * ROW;
-            if (rows[row + SUPPOSED] == NONE) {
-                rows[row + SUPPOSED] = Instances.code(rows[row + SET]);
-                supposals[supposed * 2] = stop;
-                supposals[supposed * 2 + 1] = rows[row + SET] & rows[row + SET] - 1;
-                supposed++;
-            }
-            return rows[row + SUPPOSED];
-        }
-
-        private int stopOfDecider() {
+        /** The place among those for whom something is supposed of that on whose bodies those depend which were asked for. */
+        private int placeOfDecider() {
             boolean isKept = decider != NONE;
             long one = isKept ? instances.word(decider, 0) : types.first;
             long two = isKept ? instances.word(decider, 1) : types.second;
             long three = isKept ? instances.word(decider, 2) : types.third;
-            for (int i = 0; i < stops; i++) {
-                int at = i * WORDS;
-                if (words[at] != one || words[at + 1] != two || words[at + 2] != three) continue;
-                rows[i * ROW + SET] = deciding;
-                return i;
-            }
-            if (stops == MOST) return NONE;
-            words[stops * WORDS] = one;
-            words[stops * WORDS + 1] = two;
-            words[stops * WORDS + 2] = three;
-            rows[stops * ROW] = decider;
-            rows[stops * ROW + SET] = deciding;
-            rows[stops * ROW + SUPPOSED] = NONE;
-            return stops++;
+            int before = supposals.count();
+            int place = supposals.place(one, two, three, decider, deciding);
+            if (place == before) supposals.putAsked(place, types.first, types.second, types.third);
+            return place;
         }
 
         /** The base of an instance with a body, written into a row; NONE if it has none. */
@@ -2476,8 +2629,8 @@ public final class Overloadery {
         static final int LEVELS = 6;
         private static final int LOOKS = 1 << 8;
         private static final int FARTHER = 3;
-        /** How far it goes at last along a line without a fork. */
-        private static final int LINE_LOOKS = 1 << 25;
+        /** How far it goes forward at last. */
+        private static final int MOST_LOOKS = 1 << 25;
 
         /** What is done next; the first ones begin with a look. */
         private static final int DESCEND = 0;
@@ -2549,13 +2702,11 @@ public final class Overloadery {
         private int[] path = new int[FEW];
         private int height;
         private int stacked;
-        private int gathered;
+        /** How many of the path were looked at in their turn. */
         private int seen;
-        /** Whether something was left out, and whether there was a choice where to go on. */
+        /** Whether something was left out, there was a choice where to go on, and nothing more can be shed. */
         private boolean isCut;
         private boolean isForked;
-        /** How many of the path were held, and whether nothing more can be shed. */
-        private int held;
         private boolean isPacked;
         /** How many in a line were not kept, and what follows for the last one that was kept. */
         private int run;
@@ -2589,6 +2740,7 @@ public final class Overloadery {
             instances.makeRoom();
             goal = instances.find(one, two, three, Instances.mixed(one, two, three));
             if (goal == NONE) goal = instances.put(one, two, three, Instances.ALL);
+            if (goal == NONE) return false;
             this.level = level;
             startWalk(FORWARD);
             for (int i = 0; i < MOST && phase != DONE; i++) {
@@ -2648,7 +2800,7 @@ public final class Overloadery {
             isForked = false;
             isPacked = false;
             depth = 0;
-            limit = next == FORWARD && level == LEVELS - 1 ? look.looks() + LINE_LOOKS : last();
+            limit = next == FORWARD && level == LEVELS - 1 ? look.looks() + MOST_LOOKS : last();
         }
 
         /** Aims at the last one of the path, or finds what else is to be done. */
@@ -2656,7 +2808,7 @@ public final class Overloadery {
             instances.makeRoom();
             if (instances.isFull() && plan != WITHIN && !isPacked && height > 0) {
                 phase = HOLD;
-                held = 0;
+                seen = 0;
                 look.aimAt(path[0]);
                 return;
             }
@@ -2687,10 +2839,10 @@ public final class Overloadery {
 
         /** Holds what those on the path depend on; then all other instances are shed, so that there is room for new ones. */
         private void hold() {
-            look.holdMet();
-            held++;
-            if (held < height) {
-                look.aimAt(path[held]);
+            instances.holdMet();
+            seen++;
+            if (seen < height) {
+                look.aimAt(path[seen]);
                 return;
             }
             instances.hold(goal);
@@ -2780,12 +2932,12 @@ public final class Overloadery {
 
         /** Binds an instance to the only one on which its body depends, or begins to run on from this. */
         private boolean goesAlong(int top, int map) {
-            int other = look.stopId(1);
+            int other = look.supposals().id(1);
             if (other == NONE && plan == WITHIN) return false;
             if (other == NONE && instances.count() > DENSE) {
                 run = 1;
                 runMap = map;
-                look.aimAtStop(1);
+                look.aimAtOther();
                 phase = RUN_ON;
                 return true;
             }
@@ -2796,10 +2948,11 @@ public final class Overloadery {
         }
 
         private int putStop(int at) {
-            int id = look.stopId(at);
+            int id = look.supposals().id(at);
             if (id != NONE) return id;
-            int set = at == 0 ? Instances.ALL : look.stopSet(at);
-            return instances.put(look.stopWord(at, 0), look.stopWord(at, 1), look.stopWord(at, 2), set);
+            int set = at == 0 ? Instances.ALL : look.supposals().set(at);
+            Supposals others = look.supposals();
+            return instances.put(others.word(at, 0), others.word(at, 1), others.word(at, 2), set);
         }
 
         private void goAlong(int top, int other, int map) {
@@ -2821,8 +2974,8 @@ public final class Overloadery {
             int bodies = 0;
             if (map != NONE) {
                 runMap = Instances.chained(runMap, map);
-                next = look.stopId(1);
-                bodies = Instances.image(runMap, look.stopSet(1));
+                next = look.supposals().id(1);
+                bodies = Instances.image(runMap, look.supposals().set(1));
             } else if (Instances.isSingle(look.set())) {
                 bodies = Instances.image(runMap, look.set());
             }
@@ -2830,7 +2983,7 @@ public final class Overloadery {
             boolean isEnd = next == top || bodies != 0 && Instances.isSingle(bodies);
             if (!isEnd && map != NONE && next == NONE && run < RUN && look.looks() < limit) {
                 run++;
-                look.aimAtStop(1);
+                look.aimAtOther();
                 return;
             }
             phase = GO_ON;
@@ -2871,13 +3024,12 @@ public final class Overloadery {
         /** Goes from an instance to the next one on which it depends; if there is none, leaves it. */
         private void goFrom(int top) {
             if (look.isOver()) isCut = true;
-            if (!isForked) limit = Math.min(limit, last());
             isForked = true;
             int next = NONE;
             int least = instances.time(top);
-            for (int i = 1; i < look.stops(); i++) {
-                int at = plan == BACKWARD ? look.stops() - i : i;
-                int id = look.stopId(at);
+            for (int i = 1; i < look.supposals().count(); i++) {
+                int at = plan == BACKWARD ? look.supposals().count() - i : i;
+                int id = look.supposals().id(at);
                 boolean isNew = id == NONE || instances.walk(id) != walk;
                 if (isNew && next == NONE && mayEnter(id)) next = at;
                 if (!isNew && !instances.isLeft(id)) least = Math.min(least, instances.time(id));
@@ -2978,7 +3130,7 @@ public final class Overloadery {
             phase = GATHER_ON;
             instances.makeRoom();
             gathering = ++walk;
-            gathered = 0;
+            height = 0;
             seen = 0;
             stacked = 0;
             isCut = false;
@@ -3003,23 +3155,23 @@ public final class Overloadery {
         }
 
         private void add(int id) {
-            if (id == NONE || gathered >= (plan == NEAR ? MOST_NEAR : Instances.MOST_MEMBERS)) {
+            if (id == NONE || height >= (plan == NEAR ? MOST_NEAR : Instances.MOST_MEMBERS)) {
                 isCut = true;
                 return;
             }
             if (instances.walk(id) == gathering) return;
             instances.come(id, gathering, 0, 0);
-            makeRoom(gathered + 1);
-            path[gathered++] = id;
+            makeRoom(height + 1);
+            path[height++] = id;
         }
 
         private void gatherOn() {
             instances.makeRoom();
-            while (seen < gathered && isDecided(path[seen])) {
+            while (seen < height && isDecided(path[seen])) {
                 seen++;
             }
-            if (seen < gathered && look.looks() >= limit) isCut = true;
-            phase = seen < gathered && look.looks() < limit ? GATHER : END_GATHERING;
+            if (seen < height && look.looks() >= limit) isCut = true;
+            phase = seen < height && look.looks() < limit ? GATHER : END_GATHERING;
             if (phase == GATHER) look.aimAt(path[seen]);
         }
 
@@ -3038,7 +3190,7 @@ public final class Overloadery {
             phase = isGoal ? DONE : GATHER_ON;
             int map = Instances.isSingle(set) ? NONE : look.mapFromOther();
             if (look.isOver()) isCut = true;
-            for (int i = 1; i < look.stops() && !isDecided(id); i++) {
+            for (int i = 1; i < look.supposals().count() && !isDecided(id); i++) {
                 int other = putStop(i);
                 if (other != NONE && map != NONE) bind(id, other, map);
                 add(other);
@@ -3059,7 +3211,7 @@ public final class Overloadery {
         /** Takes all that were gathered and are not decided, those that are near last. */
         private void takeMembers() {
             instances.clearMembers();
-            for (int i = gathered - 1; i >= 0; i--) {
+            for (int i = height - 1; i >= 0; i--) {
                 if (!isDecided(path[i]) && !instances.takes(path[i])) isCut = true;
             }
         }
@@ -3163,17 +3315,10 @@ public final class Overloadery {
         private static final int NEXT = 2;
         private static final int GUESS = 3;
         private static final int CLASH = 4;
-        private static final int NEXT_SUBJECT = 5;
-        private static final int END = 6;
-        private static final int DONE = 7;
-
-        /** The row of a member: the first of those who depend on it, who is queued there, and what is noted of it. */
-        private static final int EDGE = 0;
-        private static final int QUEUED = 1;
-        private static final int NOTED = 2;
-        private static final int MEMBER = 3;
-        private static final int IS_QUEUED = 1;
-        private static final int WAS_SEEN = 2;
+        private static final int LEAVE_OUT = 5;
+        private static final int NEXT_SUBJECT = 6;
+        private static final int END = 7;
+        private static final int DONE = 8;
 
         /**
          * A guess: for whom, the bodies that are left to try, how many there were on the trail ahead of it, how many guesses
@@ -3191,7 +3336,6 @@ public final class Overloadery {
         /** The guesses behind the others share the last bit. */
         private static final int LAST_BIT = 62;
 
-        private static final int MOST_EDGES = 1 << 17;
         private static final int MOST_TRAILED = 1 << 16;
         private static final int FEW = 1 << 6;
         private static final int MORE = 4;
@@ -3213,19 +3357,14 @@ public final class Overloadery {
         private int untested;
         private int tested;
         private int survivors;
-        private int[] members = new int[0];
-        private int count;
-        private int queueStart;
-        private int queued;
-        /** Who depends on a member, and the next one who does. */
-        private int[] edges = new int[0];
-        private int edgeCount;
         private long[] guesses = new long[0];
         private int guessed;
         /** The instances that were narrowed with their bodies ahead of that, and the guesses on which these depended. */
         private long[] trail = new long[0];
         private int trailed;
+        /** The guesses on which a clash depends, as bits; the only one of them. */
         private long conflict;
+        private int blamed;
         /** The place of the member, or the guess, that is looked at. */
         private int one;
 
@@ -3254,22 +3393,11 @@ public final class Overloadery {
             this.limit = limit;
             isFirst = false;
             isForAll = false;
-            count = instances.members();
-            subjectPlace = count;
+            subjectPlace = instances.members();
             test(goal);
             guessed = 0;
             trailed = 0;
-            edgeCount = 0;
-            queueStart = 0;
-            queued = 0;
-            if (members.length < count * MEMBER) {
-                members = new int[Math.min(Instances.MOST_MEMBERS, Math.max(FEW, count << MORE)) * MEMBER];
-            }
-            for (int i = 0; i < count; i++) {
-                members[i * MEMBER + EDGE] = NONE;
-                members[i * MEMBER + NOTED] = 0;
-                enqueue(i);
-            }
+            instances.queueAll();
             phase = SPREAD;
         }
 
@@ -3295,14 +3423,8 @@ public final class Overloadery {
 
         /** Aims at the one that must be looked at next, and tells whether there is one. */
         boolean aims() {
-            one = NONE;
-            if (phase == SPREAD && queued > 0) {
-                one = members[queueStart * MEMBER + QUEUED];
-                queueStart = queueStart + 1 == count ? 0 : queueStart + 1;
-                queued--;
-                members[one * MEMBER + NOTED] &= ~IS_QUEUED;
-                look.aimAt(instances.member(one));
-            }
+            one = phase == SPREAD ? instances.nextQueued() : NONE;
+            if (one != NONE) look.aimAt(instances.member(one));
             for (int i = 0; i < guessed && phase == JUDGE && one == NONE; i++) {
                 if (guesses[i * ROW + SEEN] == 0) one = i;
             }
@@ -3326,6 +3448,7 @@ public final class Overloadery {
                 case NEXT: next(); break;
                 case GUESS: tryNext(); break;
                 case CLASH: goBack(); break;
+                case LEAVE_OUT: leaveOut(blamed); break;
                 case NEXT_SUBJECT: nextSubject(); break;
                 default: finish();
             }
@@ -3422,22 +3545,7 @@ public final class Overloadery {
             trailed++;
             instances.putSet(id, set);
             instances.putReasons(id, reasons);
-            int place = instances.place(id);
-            enqueue(place);
-            int edge = members[place * MEMBER + EDGE];
-            for (int i = 0; i < edgeCount && edge != NONE; i++) {
-                enqueue(edges[edge * 2]);
-                edge = edges[edge * 2 + 1];
-            }
-        }
-
-        private void enqueue(int place) {
-            if ((members[place * MEMBER + NOTED] & IS_QUEUED) != 0) return;
-            members[place * MEMBER + NOTED] |= IS_QUEUED;
-            int end = queueStart + queued;
-            if (end >= count) end -= count;
-            members[end * MEMBER + QUEUED] = place;
-            queued++;
+            instances.queueFrom(id);
         }
 
         private void undo(int left) {
@@ -3452,7 +3560,12 @@ public final class Overloadery {
         /** Takes what follows for a member from what is known or guessed of others. */
         private void take() {
             int id = instances.member(one);
-            if ((members[one * MEMBER + NOTED] & WAS_SEEN) == 0) noteOthers();
+            // Those on whom it depends are never more later, as more is known then.
+            boolean isLinked = instances.isLinked(one);
+            for (int i = 1; i < look.supposals().count() && !isLinked; i++) {
+                int other = look.supposals().id(i);
+                if (other != NONE) instances.link(one, other);
+            }
             int set = instances.set(id);
             int next = set & look.set();
             long reasons = instances.reasons(id) | look.reasons();
@@ -3460,30 +3573,12 @@ public final class Overloadery {
             else if (next != set) narrow(id, next, reasons);
         }
 
-        /** Notes on whom the member depends. These are never more later, as more is known then. */
-        private void noteOthers() {
-            members[one * MEMBER + NOTED] |= WAS_SEEN;
-            for (int i = 1; i < look.stops() && edgeCount < MOST_EDGES; i++) {
-                int other = look.stopId(i);
-                if (other == NONE || !instances.isMember(other)) continue;
-                if ((edgeCount + 1) * 2 > edges.length) {
-                    int most = Math.min(MOST_EDGES * 2, edges.length << MORE);
-                    edges = Arrays.copyOf(edges, Math.max(FEW * 2, most));
-                }
-                int at = instances.place(other) * MEMBER + EDGE;
-                edges[edgeCount * 2] = one;
-                edges[edgeCount * 2 + 1] = members[at];
-                members[at] = edgeCount++;
-            }
-        }
-
         private void clash(long reasons) {
             conflict = reasons;
             phase = CLASH;
-            while (queued > 0) {
-                queued--;
-                members[members[queueStart * MEMBER + QUEUED] * MEMBER + NOTED] &= ~IS_QUEUED;
-                queueStart = queueStart + 1 == count ? 0 : queueStart + 1;
+            int next = 0;
+            for (int i = 0; i <= instances.members() && next != NONE; i++) {
+                next = instances.nextQueued();
             }
         }
 
@@ -3496,8 +3591,8 @@ public final class Overloadery {
                 return;
             }
             int next = NONE;
-            for (int i = 1; i < look.stops() && (look.set() & ~set) != 0 && next == NONE; i++) {
-                int other = look.stopId(i);
+            for (int i = 1; i < look.supposals().count() && (look.set() & ~set) != 0 && next == NONE; i++) {
+                int other = look.supposals().id(i);
                 boolean isOpen = other != NONE && !Instances.isSingle(instances.set(other));
                 if (isOpen && instances.isMember(other)) next = other;
             }
@@ -3508,7 +3603,7 @@ public final class Overloadery {
         /** All guesses go with what follows. In a wide way it guesses on until all members have a body. */
         private void choose() {
             int next = isFirst ? nextWithNumber() : NONE;
-            for (int i = count - 1; i >= 0 && isWide && next == NONE; i--) {
+            for (int i = instances.members() - 1; i >= 0 && isWide && next == NONE; i--) {
                 if (!Instances.isSingle(instances.set(instances.member(i)))) next = instances.member(i);
             }
             if (next != NONE) {
@@ -3539,7 +3634,7 @@ public final class Overloadery {
         /** Takes back the last guess on which the clash depends, and those behind it. */
         private void goBack() {
             boolean isHigh = guessed > LAST_BIT && conflict >> LAST_BIT != 0;
-            int at = isHigh ? guessed - 1 : Long.SIZE - 1 - Long.numberOfLeadingZeros(conflict);
+            int at = isHigh ? guessed - 1 : LAST_BIT + 1 - Long.numberOfLeadingZeros(conflict);
             if (guessed == 0 || at < 0) {
                 end(subject == goal ? NO_WAY : ONE);
                 return;
@@ -3547,7 +3642,8 @@ public final class Overloadery {
             int row = at * ROW;
             long others = at <= LAST_BIT ? conflict & ~bit(at) : conflict;
             if (others == 0) {
-                ruleOut(at);
+                blamed = at;
+                phase = LEAVE_OUT;
                 return;
             }
             undo((int) guesses[row + AHEAD]);
@@ -3561,8 +3657,8 @@ public final class Overloadery {
             if (hasMore) phase = GUESS;
         }
 
-        /** A body that goes with no others is left out for good, and all guesses begin anew. */
-        private void ruleOut(int at) {
+        /** A body that does not go whatever else is guessed is left out for good, and all guesses begin anew. */
+        private void leaveOut(int at) {
             int decider = instances.follow((int) guesses[at * ROW + GUESSED]);
             int out = Instances.origin(instances.map(), (int) guesses[at * ROW + TRIED]);
             undo((int) guesses[AHEAD]);
@@ -3729,7 +3825,9 @@ public final class Overloadery {
 
         /** Takes as the candidates those of the innermost namespace that has some. */
         void beginCandidates(int namespace, int name) {
-            Arrays.fill(areCandidates, false);
+            for (int i = 0; i < Functions.FUNCTIONS; i++) {
+                areCandidates[i] = false;
+            }
             int at = namespace;
             for (int i = 0; i < Functions.NAMESPACES && at != NONE; i++) {
                 at = takesFrom(at, name) ? NONE : functions.outer(at);
@@ -3956,6 +4054,173 @@ public final class Overloadery {
         }
     }
 
+    /** What a walk is to go through yet, in queues of which the first come first, and what it has noted as met. */
+    private static final class Frontier {
+        private static final int FEW = 1 << 6;
+        private static final int MORE = 5;
+        private static final int MOST_NOTED = 1 << 19;
+        private static final int MOST_PENDING = 1 << 15;
+
+        /** One that is pending: the three words of its type, the third one with how long its line is; and the next one. */
+        private static final int NEXT = 3;
+        private static final int ROW = 4;
+        private static final int RUN_AT = 32;
+        private static final long THIRD = (1L << RUN_AT) - 1;
+
+        private long[] pending = new long[FEW * ROW];
+        private int used;
+        /** The one that was put last, and the one that was taken last. */
+        private int last;
+        /** The first and the last one of each queue; those that are used no longer are in the queue behind the others. */
+        private final int[] firsts;
+        private final int[] lasts;
+        private boolean isForked;
+        /** Numbers that tell apart what was met; each round has numbers of its own. */
+        private long[] noted = new long[FEW];
+        private int count;
+        private int round;
+
+        Frontier(int queues) {
+            firsts = new int[(queues > 0 ? queues : 1) + 1];
+            lasts = new int[(queues > 0 ? queues : 1) + 1];
+        }
+
+        /** Forgets all. */
+        void clear() {
+            if (count > 0) Arrays.fill(noted, 0);
+            count = 0;
+            isForked = false;
+            startRound();
+        }
+
+        void startRound() {
+            round++;
+            used = 0;
+            Arrays.fill(firsts, NONE);
+            Arrays.fill(lasts, NONE);
+        }
+
+        /** Whether there was ever more than one that was pending. */
+        boolean isForked() {
+            return isForked;
+        }
+
+        void fork() {
+            isForked = true;
+        }
+
+        /** Puts a type into a queue, as the first or the last one; false if there is no room. */
+        boolean puts(long one, long two, long three, int queue, boolean isAhead) {
+            int free = firsts.length - 1;
+            int at = firsts[free];
+            if (at != NONE) firsts[free] = (int) pending[at * ROW + NEXT];
+            else at = used < MOST_PENDING ? used++ : NONE;
+            last = at;
+            if (at == NONE) return false;
+            if ((at + 1) * ROW > pending.length) {
+                pending = Arrays.copyOf(pending, Math.min(MOST_PENDING * ROW, pending.length << MORE));
+            }
+            pending[at * ROW] = one;
+            pending[at * ROW + 1] = two;
+            pending[at * ROW + 2] = three;
+            if (used > 1) isForked = true;
+            boolean isFirst = isAhead || firsts[queue] == NONE;
+            pending[at * ROW + NEXT] = isFirst ? firsts[queue] : NONE;
+            if (isFirst) firsts[queue] = at;
+            else pending[lasts[queue] * ROW + NEXT] = at;
+            if (!isFirst || lasts[queue] == NONE) lasts[queue] = at;
+            return true;
+        }
+
+        /** Notes how long the line of the one is that was put last. */
+        void lengthen(int run) {
+            if (last != NONE) pending[last * ROW + 2] |= (long) run << RUN_AT;
+        }
+
+        /** Takes the first one of a queue, or else of the next one; tells the queue, NONE if there is nothing in any. */
+        int takes(int from) {
+            int queues = firsts.length - 1;
+            int queue = from;
+            for (int i = 0; i < queues && firsts[queue] == NONE; i++) {
+                queue = queue + 1 == queues ? 0 : queue + 1;
+            }
+            int at = firsts[queue];
+            if (at == NONE) return NONE;
+            last = at;
+            firsts[queue] = (int) pending[at * ROW + NEXT];
+            if (firsts[queue] == NONE) lasts[queue] = NONE;
+            pending[at * ROW + NEXT] = firsts[queues];
+            firsts[queues] = at;
+            return queue;
+        }
+
+        boolean hasSome(int queue) {
+            return firsts[queue] != NONE;
+        }
+
+        /** A word of the one that was taken. */
+        long word(int at) {
+            return pending[last * ROW + at] & (at == 2 ? THIRD : NONE);
+        }
+
+        int run() {
+            return (int) (pending[last * ROW + 2] >> RUN_AT);
+        }
+
+        /** A number of a type in this round. */
+        long number(long one, long two, long three) {
+            long number = Instances.mixed(one, two, three ^ (long) round << RUN_AT);
+            return number == 0 ? 1 : number;
+        }
+
+        boolean isNoted(long number) {
+            int mask = noted.length - 1;
+            int at = (int) number & mask;
+            for (int i = 0; i <= mask && noted[at] != 0; i++) {
+                if (noted[at] == number) return true;
+                at = at + 1 & mask;
+            }
+            return false;
+        }
+
+        void note(long number) {
+            if (isFull()) {
+                // There is no room: another one is forgotten, and may be met again.
+                noted[(int) number & noted.length - 1] = number;
+                return;
+            }
+            if (count > noted.length - noted.length / 4 && noted.length < MOST_NOTED) grow();
+            enter(number);
+            count++;
+        }
+
+        private void enter(long number) {
+            int mask = noted.length - 1;
+            int at = (int) number & mask;
+            for (int i = 0; i <= mask && noted[at] != 0; i++) {
+                at = at + 1 & mask;
+            }
+            noted[at] = number;
+        }
+
+        private void grow() {
+            long[] before = noted;
+            noted = new long[Math.min(MOST_NOTED, before.length << MORE)];
+            for (int i = 0; i < before.length; i++) {
+                if (before[i] != 0) enter(before[i]);
+            }
+        }
+
+        boolean isFull() {
+            return count > MOST_NOTED - MOST_NOTED / 8;
+        }
+
+        /** Whether there is much room to note yet. */
+        boolean hasRoom() {
+            return count < MOST_NOTED / 2;
+        }
+    }
+
     /**
      * Looks up the namespaces of the classes that are met by way of the arguments: in them, and in the bases of the
      * instances in them, and so on. As there may be very many of these, it goes only so far at a level, in several orders.
@@ -3976,10 +4241,6 @@ public final class Overloadery {
         private static final int RUN = 16;
         private static final int LONG_RUN = 1 << 8;
         private static final int TURN = 16;
-        private static final int FEW = 1 << 6;
-        private static final int MORE = 5;
-        private static final int MOST_NOTED = 1 << 19;
-        private static final int MOST_PENDING = 1 << 15;
         private static final int MOST_UNKNOWN = 64;
         /** How many bodies are assumed at once, and how often. */
         static final int DEPTH = 4;
@@ -3988,11 +4249,7 @@ public final class Overloadery {
         /** Behind the queues of the sizes are those of the instances whose bodies are to be found, by levels. */
         private static final int OPEN = Types.LARGEST + 1;
         private static final int QUEUES = OPEN + Descent.LEVELS;
-        /** One that is pending: the three words of its type, the third one with how long its line is; and the next one. */
-        private static final int NEXT = 3;
-        private static final int ROW = 4;
-        private static final int RUN_AT = 32;
-        private static final long THIRD = (1L << RUN_AT) - 1;
+        private static final int WORDS = 3;
 
         private final Types types;
         private final Hierarchy hierarchy;
@@ -4011,20 +4268,11 @@ public final class Overloadery {
         private int assumed;
         private int openLevel;
         private boolean isCut;
-        private boolean isForked;
-        /** Numbers that tell apart the instances that were met; each walk has a number of its own. */
-        private long[] noted = new long[FEW];
-        private int count;
-        private int round;
-        private long[] pending = new long[FEW * ROW];
-        private int used;
-        private int last;
-        private final int[] firsts = new int[QUEUES + 1];
-        private final int[] lasts = new int[QUEUES + 1];
+        private final Frontier frontier = new Frontier(QUEUES);
         /** The instances in a type whose bases are pending, told by their numbers. */
         private final long[] sources = new long[Types.LARGEST];
         private int sourceCount;
-        private final long[] unknown = new long[MOST_UNKNOWN * NEXT];
+        private final long[] unknown = new long[MOST_UNKNOWN * WORDS];
         private int unknowns;
 
         Walk(Types types, Hierarchy hierarchy, Templates templates, Instances instances, Look look) {
@@ -4059,7 +4307,7 @@ public final class Overloadery {
 
         /** Whether there was a choice where to go on, so that another order may lead elsewhere. */
         boolean isForked() {
-            return isForked;
+            return frontier.isForked();
         }
 
         int openLevel() {
@@ -4072,23 +4320,9 @@ public final class Overloadery {
             unknowns = 0;
             others = 0;
             runs = 0;
-            clear();
-            isCut = false;
-            isForked = false;
-        }
-
-        private void clear() {
-            if (count > 0) Arrays.fill(noted, 0);
-            count = 0;
-            startRound();
-        }
-
-        private void startRound() {
-            round++;
             steps = 0;
-            used = 0;
-            Arrays.fill(firsts, NONE);
-            Arrays.fill(lasts, NONE);
+            isCut = false;
+            frontier.clear();
         }
 
         /** How often may be looked at instances on the way. */
@@ -4096,104 +4330,34 @@ public final class Overloadery {
             return LOOKS << MORE_LOOKS * level;
         }
 
-        // ---- what is pending
-
         void put(int place) {
             int size = types.ends[place] - place;
             types.pack(place);
-            push(order == SMALLEST ? size : 0, 0);
+            int queue = order == SMALLEST ? size : 0;
+            if (!frontier.puts(types.first, types.second, types.third, queue, order == LATEST)) isCut = true;
         }
 
-        /** Queues the type that was packed last. Those that are used no longer are in the last queue. */
-        private void push(int queue, int run) {
-            int at = firsts[QUEUES];
-            if (at != NONE) firsts[QUEUES] = (int) pending[at * ROW + NEXT];
-            else at = used < MOST_PENDING ? used++ : NONE;
-            if (at == NONE) {
-                isCut = true;
-                last = NONE;
-                return;
-            }
-            if ((at + 1) * ROW > pending.length) {
-                int length = Math.min(MOST_PENDING * ROW, pending.length << MORE);
-                pending = Arrays.copyOf(pending, length);
-            }
-            pending[at * ROW] = types.first;
-            pending[at * ROW + 1] = types.second;
-            pending[at * ROW + 2] = types.third | (long) run << RUN_AT;
-            last = at;
-            if (used > 1 || queue >= OPEN) isForked = true;
-            boolean isFirst = order == LATEST || firsts[queue] == NONE;
-            pending[at * ROW + NEXT] = isFirst ? firsts[queue] : NONE;
-            if (isFirst) firsts[queue] = at;
-            else pending[lasts[queue] * ROW + NEXT] = at;
-            if (!isFirst || lasts[queue] == NONE) lasts[queue] = at;
+        /** Puts the instance that was packed last among those whose bodies are to be found, at a level. */
+        private void putOpen(int level) {
+            frontier.fork();
+            if (!frontier.puts(types.first, types.second, types.third, OPEN + level, false)) isCut = true;
         }
 
         /**
-         * Takes the next one into a row, and tells how long its line is; NONE if there is none. Now and then it is an
-         * instance whose body must be found, even if there are others.
+         * Takes the next one into a row, and tells whether there is one. Now and then it is an instance whose body must be
+         * found, even if there are others.
          */
-        private int taken() {
-            int queue = steps % TURN == 0 ? OPEN : 0;
-            for (int i = 0; i < QUEUES && firsts[queue] == NONE; i++) {
-                queue = queue + 1 == QUEUES ? 0 : queue + 1;
-            }
-            int at = firsts[queue];
-            if (at == NONE) return NONE;
-            firsts[queue] = (int) pending[at * ROW + NEXT];
-            if (firsts[queue] == NONE) lasts[queue] = NONE;
-            pending[at * ROW + NEXT] = firsts[QUEUES];
-            firsts[QUEUES] = at;
-            long third = pending[at * ROW + 2];
-            types.unpack(pending[at * ROW], pending[at * ROW + 1], third & THIRD, Types.WALKED);
+        private boolean takes() {
+            int queue = frontier.takes(steps % TURN == 0 ? OPEN : 0);
+            if (queue == NONE) return false;
+            types.unpack(frontier.word(0), frontier.word(1), frontier.word(2), Types.WALKED);
             openLevel = queue >= OPEN ? queue - OPEN : NONE;
-            return (int) (third >> RUN_AT);
+            steps++;
+            others++;
+            return true;
         }
 
         // ---- what was met
-
-        private boolean isNoted(long number) {
-            int mask = noted.length - 1;
-            int at = (int) number & mask;
-            for (int i = 0; i <= mask && noted[at] != 0; i++) {
-                if (noted[at] == number) return true;
-                at = at + 1 & mask;
-            }
-            return false;
-        }
-
-        private void note(long number) {
-            if (isFull()) {
-                // There is no room: another one is forgotten, and may be met again.
-                noted[(int) number & noted.length - 1] = number;
-                return;
-            }
-            if (count > noted.length - noted.length / 4 && noted.length < MOST_NOTED) grow();
-            enter(number);
-            count++;
-        }
-
-        private void enter(long number) {
-            int mask = noted.length - 1;
-            int at = (int) number & mask;
-            for (int i = 0; i <= mask && noted[at] != 0; i++) {
-                at = at + 1 & mask;
-            }
-            noted[at] = number;
-        }
-
-        private void grow() {
-            long[] before = noted;
-            noted = new long[Math.min(MOST_NOTED, before.length << MORE)];
-            for (int i = 0; i < before.length; i++) {
-                if (before[i] != 0) enter(before[i]);
-            }
-        }
-
-        private boolean isFull() {
-            return count > MOST_NOTED - MOST_NOTED / 8;
-        }
 
         private void meet(int cls) {
             int all = hierarchy.allBases(cls);
@@ -4214,26 +4378,26 @@ public final class Overloadery {
         // ---- the walk
 
         private boolean mayGoOn() {
-            if (isFull() && order != LATEST) return false;
-            int most = STEPS << FARTHER * level;
-            return steps < (level == Descent.LEVELS - 1 && !isForked ? LINE_STEPS : most);
+            if (wanted == 0 || frontier.isFull() && order != LATEST) return false;
+            boolean isLine = level == Descent.LEVELS - 1 && !frontier.isForked();
+            return steps < (isLine ? LINE_STEPS : STEPS << FARTHER * level);
         }
 
         /** Goes on until the body of an instance must be found, and tells whether one must. */
         boolean goesOn() {
-            while (wanted != 0 && mayGoOn()) {
-                int run = taken();
-                if (run == NONE) return false;
-                steps++;
+            for (int i = 0; i < LINE_STEPS && mayGoOn(); i++) {
+                if (!takes()) {
+                    others = 0;
+                    return false;
+                }
                 if (openLevel != NONE) return true;
-                scan(run);
+                scan(frontier.run());
             }
             isCut = true;
-            while (unknowns < MOST_UNKNOWN / 2 && wanted != 0) {
-                int at = firsts[OPEN];
-                if (at == NONE) return false;
-                firsts[OPEN] = (int) pending[at * ROW + NEXT];
-                noteUnknown(pending[at * ROW], pending[at * ROW + 1], pending[at * ROW + 2]);
+            others = 0;
+            for (int i = unknowns; i < MOST_UNKNOWN / 2 && frontier.hasSome(OPEN); i++) {
+                frontier.takes(OPEN);
+                noteUnknown(frontier.word(0), frontier.word(1), frontier.word(2));
             }
             return false;
         }
@@ -4241,10 +4405,16 @@ public final class Overloadery {
         private void noteUnknown(long one, long two, long three) {
             isCut = true;
             if (unknowns == MOST_UNKNOWN) return;
-            unknown[unknowns * NEXT] = one;
-            unknown[unknowns * NEXT + 1] = two;
-            unknown[unknowns * NEXT + 2] = three;
+            unknown[unknowns * WORDS] = one;
+            unknown[unknowns * WORDS + 1] = two;
+            unknown[unknowns * WORDS + 2] = three;
             unknowns++;
+        }
+
+        /** Takes an instance whose body could not be found into a row, and tells its place. */
+        private int unknownAt(int at) {
+            types.unpack(unknown[at * WORDS], unknown[at * WORDS + 1], unknown[at * WORDS + 2], Types.WALKED);
+            return Types.WALKED * Types.WIDTH;
         }
 
         /** The words of the instance whose body must be found. */
@@ -4258,7 +4428,7 @@ public final class Overloadery {
             int place = Types.WALKED * Types.WIDTH;
             if (goesBehind(place)) return;
             types.pack(place);
-            if (openLevel < level) push(OPEN + openLevel + 1, 0);
+            if (openLevel < level) putOpen(openLevel + 1);
             else noteUnknown(types.first, types.second, types.third);
         }
 
@@ -4296,8 +4466,7 @@ public final class Overloadery {
 
         /** The instance that decides which body an unknown one has; NONE if this is known. */
         private int deciderOf(int at) {
-            types.unpack(unknown[at * NEXT], unknown[at * NEXT + 1], unknown[at * NEXT + 2], Types.WALKED);
-            if (Instances.isSingle(look.setAt(Types.WALKED * Types.WIDTH))) return NONE;
+            if (Instances.isSingle(look.setAt(unknownAt(at)))) return NONE;
             if (look.decider() != NONE) return look.decider();
             instances.makeRoom();
             return instances.put(types.first, types.second, types.third, look.deciding());
@@ -4305,23 +4474,16 @@ public final class Overloadery {
 
         /** Goes from the first unknown ones as far as it can go without bodies that must be found. */
         private void goAround(int end) {
-            startRound();
+            frontier.startRound();
+            steps = 0;
             for (int i = 0; i < end; i++) {
-                types.unpack(unknown[i * NEXT], unknown[i * NEXT + 1], unknown[i * NEXT + 2], Types.WALKED);
-                goesBehind(Types.WALKED * Types.WIDTH);
+                goesBehind(unknownAt(i));
             }
-            int most = STEPS << FARTHER * level >> FARTHER;
-            while (wanted != 0 && steps < most && others < STEPS << FARTHER * level && mayGoOn()) {
-                int run = taken();
-                if (run == NONE) return;
-                steps++;
-                others++;
-                if (openLevel == NONE) {
-                    scan(run);
-                } else {
-                    types.pack(Types.WALKED * Types.WIDTH);
-                    noteUnknown(types.first, types.second, types.third);
-                }
+            int most = STEPS << FARTHER * level;
+            int last = Math.min(most, others + (most >> FARTHER));
+            for (int i = others; i < last && others < last && mayGoOn() && takes(); i++) {
+                if (openLevel == NONE) scan(frontier.run());
+                else noteUnknown(frontier.word(0), frontier.word(1), frontier.word(2));
             }
         }
 
@@ -4336,29 +4498,23 @@ public final class Overloadery {
                 if (!Types.isInstance(token)) continue;
                 if ((templates.classesBehind(Types.templateOf(token)) & wanted) == 0) continue;
                 types.pack(place);
-                long number = number();
+                long number = frontier.number(types.first, types.second, types.third);
                 steps++;
                 others++;
-                if (isNoted(number)) continue;
+                if (frontier.isNoted(number)) continue;
                 sources[sourceCount] = number;
                 if (!goesBehind(place)) {
-                    note(number);
+                    frontier.note(number);
                     types.pack(place);
-                    push(OPEN, 0);
+                    putOpen(0);
                     opened++;
                 }
             }
-            boolean isLine = sourceCount == 1 && opened == 0 && run < (count < MOST_NOTED / 2 ? RUN : LONG_RUN);
+            boolean isLine = sourceCount == 1 && opened == 0 && run < (frontier.hasRoom() ? RUN : LONG_RUN);
             for (int i = 0; i < sourceCount && !isLine; i++) {
-                note(sources[i]);
+                frontier.note(sources[i]);
             }
-            if (isLine && last != NONE) pending[last * ROW + 2] |= (long) (run + 1) << RUN_AT;
-        }
-
-        /** A number of the type that was packed last, in this walk. */
-        private long number() {
-            long number = Instances.mixed(types.first, types.second ^ (long) round << RUN_AT + MORE, types.third);
-            return number == 0 ? 1 : number;
+            if (isLine) frontier.lengthen(run + 1);
         }
 
         /** Queues the base of an instance; false if it may have several ones, so that its body must be found. */
