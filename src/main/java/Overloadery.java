@@ -23,40 +23,66 @@ public final class Overloadery {
     /** Answers for a function that is not viable, and for a parameter that stands for nothing. */
     private static final int NOT_VIABLE = -1_000_000;
     private static final int NOTHING = -2_000_000;
-    /** How often bodies are supposed, and found, for a question; how often instances are looked at. */
+
+    /** How often bodies are supposed, and looked for, for a question; and for how many more, when it is known to be open. */
     private static final int RUNS = 1 << 12;
-    private static final int ROUNDS = 1 << 6;
-    private static final int LOOKS = 1 << 25;
-    /** How many bodies are looked for on a walk at most. */
-    private static final int MOST_OPEN = 1 << 24;
+    private static final int MORE_RUNS = 1 << 6;
+    private static final int ROUNDS = 1 << 8;
+    /** How often instances are looked at: at the first level, by how much more at the next ones, beside a question, at most. */
+    private static final int LOOKS = 1 << 10;
+    private static final int FARTHER = 3;
+    private static final int LEVELS = 4;
+    private static final int LOOKS_ASIDE = 1 << 14;
+    private static final int MOST_LOOKS = 1 << 22;
+    /** How far a walk goes in a turn, how often is looked in it, also if nothing else goes on, and how many turns there are. */
+    private static final int TURN = 64;
+    private static final int LOOKS_OF_TURN = 64;
+    private static final int LOOKS_ALONE = 1 << 12;
+    private static final int TURNS = 1 << 24;
+    /** What is tried to find bodies that go together: also for those that have numbers, for all, for the goals. */
+    private static final int ASIDE = 0;
+    private static final int TOGETHER = 1;
+    private static final int GOALS = 2;
+    private static final int ANEW = 3;
+    private static final int GOALS_ANEW = 4;
+    private static final int AT_LEAST = 5;
 
     private final Types table;
     private final Hierarchy hierarchy;
     private final Templates templates;
-    private final Instances instances;
+    private final Bodies bodies;
+    private final Chains chains;
     private final Look look;
-    private final Descent descent;
+    private final Explorer explorer;
+    private final Search search;
     private final Functions functions;
     private final Call call;
     private final Walk walk;
     private final Making making;
+    /** Whether bodies were looked for beside a question, too. */
+    private boolean isAside;
 
     public Overloadery() {
         Types newTypes = new Types();
         Hierarchy newHierarchy = new Hierarchy();
         Templates newTemplates = new Templates(newTypes, newHierarchy);
-        Instances newInstances = new Instances();
-        Look newLook = new Look(newTypes, newHierarchy, newTemplates, newInstances);
+        Bodies newBodies = new Bodies(newTypes, newTemplates);
+        Chains newChains = new Chains(newTypes, newHierarchy, newTemplates, newBodies);
+        Look newLook = new Look(newTypes, newTemplates, newBodies, newChains);
+        Frontier walked = new Frontier(newTypes);
+        Explorer newExplorer = new Explorer(newTypes, newTemplates, newBodies, newChains, newLook, walked);
         Functions newFunctions = new Functions(newTypes);
         table = newTypes;
         hierarchy = newHierarchy;
         templates = newTemplates;
-        instances = newInstances;
+        bodies = newBodies;
+        chains = newChains;
         look = newLook;
-        descent = new Descent(newTypes, newInstances, new Look(newTypes, newHierarchy, newTemplates, newInstances));
+        explorer = newExplorer;
+        search = new Search(newTypes, newBodies, newChains, newLook);
         functions = newFunctions;
-        call = new Call(newTypes, newHierarchy, newTemplates, newFunctions, newLook);
-        walk = new Walk(newTypes, newHierarchy, newTemplates, newInstances, newLook);
+        call = new Call(newTypes, newHierarchy, newTemplates, newFunctions, newBodies, newChains);
+        walk = new Walk(newTypes, newHierarchy, newTemplates, newBodies, newExplorer, walked);
         making = new Making(newHierarchy);
     }
 
@@ -101,15 +127,16 @@ public final class Overloadery {
     public int baseOf(int type)
             throws IndexOutOfBoundsException, IllegalArgumentException, NoSuchElementException, IllegalStateException {
         needClosedInstance(type);
-        if (answer(BASE, type, NONE) == NOTHING) throw new NoSuchElementException();
-        return needRoom(table.numberOf(Types.OTHER * Types.WIDTH));
+        long base = answer(BASE, type, NONE);
+        if (base == NOTHING) throw new NoSuchElementException();
+        return needRoom(table.numberOf((int) base));
     }
 
     public int chosenFor(int type) throws IndexOutOfBoundsException, IllegalArgumentException {
         needClosedInstance(type);
         long body = answer(BODY, type, NONE);
-        if (body == Instances.ITSELF) return Templates.ITSELF;
-        return body == Instances.UNSURE ? NOT_SURE : (int) body;
+        if (body == Bodies.ITSELF) return Templates.ITSELF;
+        return body == Bodies.UNSURE ? NOT_SURE : (int) body;
     }
 
     // ---- namespaces, classes, templates
@@ -273,10 +300,10 @@ public final class Overloadery {
             UnsupportedOperationException {
         needFunction(function);
         if (!isParameter(parameter)) throw new IndexOutOfBoundsException();
-        long answer = answer(DEDUCED, function, parameter);
-        if (answer == NOT_VIABLE) throw new IllegalStateException();
-        if (answer == NOTHING) throw new NoSuchElementException();
-        int number = table.numberOf(call.boundPlace(parameter));
+        long type = answer(DEDUCED, function, parameter);
+        if (type == NOT_VIABLE) throw new IllegalStateException();
+        if (type == NOTHING) throw new NoSuchElementException();
+        int number = table.numberOf((int) type);
         if (number == NONE) throw new UnsupportedOperationException();
         return number;
     }
@@ -405,84 +432,166 @@ public final class Overloadery {
     // ---- how answers are found
 
     /**
-     * The answer to a question. As long as it is not the same whatever bodies instances have of whom this is not known, their
-     * bodies are found; at last they have those that they have if what is open does not hold.
+     * The answer to a question. It is asked for whatever bodies the instances have of which this is not known; if the
+     * answers differ, these are looked for, and where there is a choice, they are chosen so that they go together.
      */
     private long answer(int kind, int one, int two) {
-        if (kind < BEST) descent.begin();
-        int last = descent.looks() + LOOKS;
+        if (kind < BEST) beginQuestion();
         long answer = 0;
-        boolean isCareful = false;
-        for (int level = 0; level <= Descent.LEVELS; level++) {
-            boolean isLast = level == Descent.LEVELS || descent.looks() > last;
-            boolean isNew = true;
-            for (int round = 0; round < ROUNDS && isNew; round++) {
-                look.begin(isCareful);
-                boolean isAlike = true;
-                boolean goesOn = true;
-                for (int run = 0; run < RUNS && goesOn; run++) {
-                    for (int i = 0; i < functions.count() && kind > DISTANCE; i++) {
-                        call.settle(kind, one, i);
-                    }
-                    long now = kind > DISTANCE ? call.outcome(kind, one, two) : look.outcome(kind, one, two);
-                    isAlike = run == 0 || now == answer;
-                    if (run == 0) answer = now;
-                    goesOn = isAlike && look.advances();
+        int level = 0;
+        for (int round = 0; round < ROUNDS; round++) {
+            explorer.makeRoom();
+            chains.beginQuestion();
+            boolean isAlike = true;
+            boolean goesOn = true;
+            int left = RUNS;
+            for (int run = 0; run < left && goesOn; run++) {
+                for (int i = 0; i < functions.count() && kind > DISTANCE; i++) {
+                    call.settle(kind, one, i);
                 }
-                boolean isOver = look.isOver() || isAlike && goesOn;
-                if (isAlike && !isOver) return answer;
-                if (isOver && !isCareful) {
-                    isCareful = true;
-                    continue;
-                }
-                isNew = isLast;
-                for (int i = 1; i < look.supposals().count(); i++) {
-                    long first = look.supposals().askedWord(i, 0);
-                    long second = look.supposals().askedWord(i, 1);
-                    long third = look.supposals().askedWord(i, 2);
-                    if (isLast) descent.settleAtLeast(first, second, third);
-                    else if (descent.finds(first, second, third, level)) isNew = true;
-                }
+                long now = kind > DISTANCE ? call.outcome(kind, one, two) : outcome(kind, one, two);
+                if (run == 0) answer = now;
+                // The others of whose bodies it depends are gathered, too.
+                if (now != answer) left = Math.min(left, run + MORE_RUNS);
+                if (now != answer) isAlike = false;
+                goesOn = bodies.supposesNext();
             }
+            boolean isOver = bodies.isOver() || table.isShort();
+            bodies.endSupposing();
+            if (isAlike && !goesOn && !isOver) return answer;
+            explorer.putGoals();
+            explorer.run(LOOKS << FARTHER * level);
+            if (bodies.areDecided()) continue;
+            boolean isLast = level == LEVELS;
+            int found = foundWay(LOOKS << FARTHER * level, isLast);
+            if (found == Search.FOUND) continue;
+            if (isLast || found == Search.NO_WAY && explorer.isIdle()) settleGoals(LOOKS << FARTHER * level);
+            else level++;
         }
         return answer;
     }
 
+    private void beginQuestion() {
+        explorer.begin();
+        isAside = false;
+    }
+
+    /** What is asked of an instance, or of two types, for what is supposed. */
+    private long outcome(int kind, int type, int other) {
+        int id = table.id(type);
+        if (kind == DISTANCE) {
+            int steps = chains.stepsByAll(id, table.id(other));
+            return steps == Chains.OPEN_STEPS ? chains.stepsSupposed(id, table.id(other)) : steps;
+        }
+        int set = bodies.setOf(id);
+        if (kind == BASE && hasOneBase(id, set)) set = set & -set;
+        int body = Bodies.isSingle(set) ? Bodies.code(set) : bodies.suppose(id);
+        if (kind == BODY) return body;
+        int base = bodies.baseAt(id, body);
+        return base == NONE ? NOTHING : base;
+    }
+
+    private boolean hasOneBase(int id, int set) {
+        int base = bodies.baseAt(id, Bodies.code(set));
+        for (int i = 0; i < Bodies.CODES; i++) {
+            if ((set >> i & 1) == 1 && bodies.baseAt(id, i) != base) return false;
+        }
+        return true;
+    }
+
+    /**
+     * Finds bodies for the goals that go together; if all on whom they depend are known, for these and those that have
+     * numbers as well, as long as there is a way. What was chosen earlier is forgotten if it does not go with them.
+     */
+    private int foundWay(int limit, boolean isLast) {
+        int found = Search.UNKNOWN;
+        boolean isRevoked = false;
+        for (int step = ASIDE; step <= AT_LEAST && found != Search.FOUND; step++) {
+            boolean isDue = step == GOALS || step == GOALS_ANEW && isRevoked || step == AT_LEAST && isLast;
+            if (step == ASIDE && explorer.isIdle() && !isAside) {
+                isAside = true;
+                explorer.putNumbered();
+                explorer.run(LOOKS_ASIDE);
+                isDue = explorer.isIdle();
+                if (!isDue) {
+                    explorer.putAnew();
+                    explorer.run(limit);
+                }
+            } else if (step == TOGETHER) {
+                if (found == Search.NO_WAY) {
+                    explorer.putAnew();
+                    explorer.run(limit);
+                }
+                isDue = explorer.isIdle();
+            } else if (step == ANEW && found == Search.NO_WAY && explorer.revokes()) {
+                isRevoked = true;
+                explorer.run(limit);
+                isDue = explorer.isIdle();
+            }
+            if (!isDue) continue;
+            explorer.makeRoom();
+            boolean isForAll = step == ASIDE || step == TOGETHER || step == ANEW;
+            found = search.run(isForAll ? Search.FOR_ALL : step == AT_LEAST ? Search.AT_LEAST : Search.FOR_GOALS, NONE, limit);
+        }
+        return found;
+    }
+
+    /** Finds a body for each goal by itself; one for which none goes is not sure. */
+    private void settleGoals(int limit) {
+        for (int i = 0; i < bodies.goals(); i++) {
+            explorer.makeRoom();
+            int goal = bodies.goal(i);
+            if (bodies.isDecided(goal)) continue;
+            int found = search.run(Search.FOR_GOALS, goal, limit);
+            if (found == Search.UNKNOWN) found = search.run(Search.AT_LEAST, goal, limit);
+            int set = found == Search.NO_WAY ? 1 << Bodies.UNSURE : Bodies.preferred(bodies.setOf(goal));
+            if (found != Search.FOUND) bodies.settle(goal, set);
+        }
+    }
+
     /** Finds the candidates of the call of a name. */
     private void gather(int namespace, int name) {
-        descent.begin();
+        beginQuestion();
         call.beginCandidates(namespace, name);
         int contents = 0;
         for (int i = 0; i < call.count(); i++) {
             contents |= table.contents(call.argument(i));
         }
-        templates.findEnds();
         templates.lookBehind(contents);
         walk.begin(call.wantedClasses(name));
-        boolean isDone = call.count() == 0;
-        for (int i = 0; i < Descent.LEVELS * Walk.ORDERS && walk.lacksSome() && !isDone; i++) {
-            walk.start(i / Walk.ORDERS, i % Walk.ORDERS);
-            for (int j = 0; j < call.count(); j++) {
-                walk.put(call.argument(j));
+        putArguments();
+        int revoked = 0;
+        for (int turn = 0; turn < TURNS && walk.lacksSome(); turn++) {
+            walk.goOn(TURN);
+            boolean mayLook = look.looks() < MOST_LOOKS;
+            if (mayLook) explorer.run(walk.isIdle() ? LOOKS_ALONE : LOOKS_OF_TURN);
+            if (explorer.revoked() > revoked) {
+                revoked = explorer.revoked();
+                walk.startAnew();
+                putArguments();
+                continue;
             }
-            int last = descent.looks() + walk.mostLooks();
-            for (int j = 0; j < MOST_OPEN && walk.goesOn(); j++) {
-                walk.packOpen();
-                int level = descent.looks() < last ? walk.openLevel() : Descent.LEVELS;
-                boolean isFound = level < Descent.LEVELS && descent.finds(table.first, table.second, table.third, level);
-                walk.packOpen();
-                boolean isLast = walk.openLevel() == Descent.LEVELS - 1;
-                if (isLast && !isFound) descent.settleAtLeast(table.first, table.second, table.third);
-                walk.goFromOpen();
+            walk.wake();
+            if (!walk.isIdle() || mayLook && explorer.canGoOn()) continue;
+            explorer.makeRoom();
+            int waiting = walk.wakeAll();
+            if (!walk.isIdle()) continue;
+            if (waiting > 0) {
+                int found = foundWay(MOST_LOOKS, !explorer.isIdle());
+                if (found != Search.FOUND) settleGoals(LOOKS_ASIDE);
+                continue;
             }
-            for (int depth = 1; depth <= Walk.DEPTH && walk.lacksSome(); depth++) {
-                walk.meetAnyway(depth);
-            }
-            isDone = walk.isDone();
-            if (!walk.isForked()) i += Walk.ORDERS - 1 - i % Walk.ORDERS;
+            if (!walk.startsNext()) break;
+            putArguments();
         }
         for (int i = 0; i < functions.namespaces(); i++) {
             if ((walk.found() >> i & 1) == 1) call.takesFrom(i, name);
+        }
+    }
+
+    private void putArguments() {
+        for (int i = 0; i < call.count(); i++) {
+            walk.put(table.id(call.argument(i)));
         }
     }
 
@@ -565,8 +674,9 @@ public final class Overloadery {
     }
 
     /**
-     * The types. Each is a row of tokens, in which what stands ahead of a type comes first, and then those that it is made
-     * of. The first rows are those of the types that have a number; behind them are rows that calls use again.
+     * The types. Those with a number are rows of tokens, in which what stands ahead of a type comes first, and then those
+     * that it is made of. Each closed type that comes about has an id besides: it is kept once, as a word that tells what
+     * stands ahead of it, its size, and the ids of those that it is made of. So two of them are the same if their ids are.
      */
     private static final class Types {
         static final int TRUTH = 0;
@@ -581,53 +691,70 @@ public final class Overloadery {
 
         static final int NUMBERED = 150;
         static final int LARGEST = 30;
-        /** The places of a row. */
+        /** The places of a row; behind the rows of the numbered types is one of a type that is put together. */
         static final int WIDTH = 32;
+        private static final int MADE = NUMBERED;
 
-        /** The rows behind the numbered ones: an instance that is looked at, bases, and those that are kept for a while. */
-        static final int OWN = NUMBERED;
-        static final int CHAIN = OWN + 1;
-        static final int TAKEN = CHAIN + Look.STEPS;
-        static final int LINE = TAKEN + Functions.EACH;
-        static final int WALKED = LINE + Look.STEPS;
-        static final int OTHER = WALKED + 1;
-        static final int OPENED = OTHER + 2;
-        private static final int MADE = OPENED + Look.MOST_OPEN;
-        private static final int ROWS = MADE + 1;
-
-        /** The frames of what parameters stand for. */
+        /** The frames of what parameters stand for, told by ids. */
         static final int FITTING = 0;
         static final int PART = 1;
         static final int OF_BASE = 2;
         static final int DEDUCED = 3;
         static final int TRIED = 4;
-        static final int SPECIAL = 5;
-        private static final int FRAMES = 6;
+        private static final int FRAMES = 5;
 
-        /** A type as three words: each token takes five bits, twelve of them a word. */
-        private static final int BITS = 5;
-        private static final int TOKEN = (1 << BITS) - 1;
-        private static final int WORD = 12;
-        private static final int TWO_WORDS = 24;
+        /** The word of an id: the token, the size, two ids; and marks. A type without parts has its token as its id. */
+        static final int TOKEN = 31;
+        static final int SIZE_AT = 5;
+        static final int FIRST_AT = 10;
+        static final int SECOND_AT = 31;
+        static final int ID = (1 << 21) - 1;
+        private static final int ID_BITS = 21;
+        private static final long TYPE = (1L << 52) - 1;
+        static final long NOTED = 1L << 52;
+        static final long PENDING = 1L << 53;
+        private static final long KEPT = 1L << 54;
+        static final long MARKED = 1L << 55;
+        static final long LITERAL = 1L << 56;
+        static final int LITERAL_AT = 57;
 
-        final int[] tokens = new int[ROWS * WIDTH];
+        /** No bounds of the document, but of the room in which the program lives: it grows by these stages. */
+        private static final int MOST = 1_600_000;
+        private static final int STAGES = 4;
+        private static final int[] CAPACITIES = {1 << 11, 1 << 14, 1 << 17, MOST};
+        private static final int SPARE = 1 << 15;
+        private static final int FEW = 1 << 9;
+        private static final long MIX = 0x9E3779B97F4A7C15L;
+        private static final long MIX_MORE = 0xBF58476D1CE4E5B9L;
+
+        final int[] tokens = new int[(NUMBERED + 1) * WIDTH];
         /** For each place where a type begins, the place behind it. */
-        final int[] ends = new int[ROWS * WIDTH];
-        private final int[] spots = new int[LARGEST];
-        /** The places of what the parameters stand for, NONE for nothing. */
-        final int[] bound = new int[FRAMES * PARAMETERS];
-        /** The words of the type that was packed last. */
-        long first;
-        long second;
-        long third;
+        final int[] ends = new int[(NUMBERED + 1) * WIDTH];
+        private final int[] ids = new int[NUMBERED];
         private int numbered;
+        /** What parameters stand for: ids, or places of rows; NONE for nothing. */
+        final int[] bound = new int[FRAMES * PARAMETERS];
+        private final int[] special = new int[PARAMETERS];
+        private final int[] stack = new int[LARGEST * 2];
+        /** For each id its word, and what is known of its bodies; and where each word is found, three ids in a place. */
+        long[] nodes = new long[CAPACITIES[0]];
+        long[] infos = new long[CAPACITIES[0]];
+        private long[] index = new long[CAPACITIES[0] / 2];
+        /** The ids that are told are lower. */
+        int count = POINTER;
+        private int stage;
+        private boolean isShort;
 
         Types() {
             for (int i = 0; i < BASIC; i++) {
                 tokens[i * WIDTH] = i;
                 ends[i * WIDTH] = i * WIDTH + 1;
             }
+            for (int i = 0; i < POINTER; i++) {
+                nodes[i] = i | 1L << SIZE_AT;
+            }
             numbered = BASIC;
+            Arrays.fill(ids, NONE);
             Arrays.fill(bound, NONE);
         }
 
@@ -650,6 +777,8 @@ public final class Overloadery {
         static int templateOf(int token) {
             return token >= TWOFOLD ? token - TWOFOLD : token - SINGLE;
         }
+
+        // ---- types with numbers
 
         int numbered() {
             return numbered;
@@ -675,6 +804,11 @@ public final class Overloadery {
             return false;
         }
 
+        /** The id of a closed type with a number, if ids were told. */
+        int id(int number) {
+            return ids[number];
+        }
+
         /** Finds the ends of all types in a row, the last one first. */
         private void parse(int from, int end) {
             int last = end;
@@ -686,22 +820,16 @@ public final class Overloadery {
             }
         }
 
-        /** Copies a type with its ends, and tells the place behind it. */
+        /** Copies a type to another place, and tells the place behind it. */
         private int copied(int from, int to) {
             int length = ends[from] - from;
-            int shift = to - from;
             for (int i = 0; i < length; i++) {
                 tokens[to + i] = tokens[from + i];
-                ends[to + i] = ends[from + i] + shift;
             }
             return to + length;
         }
 
-        void copyRow(int place, int row) {
-            copied(place, row * WIDTH);
-        }
-
-        boolean isSame(int place, int other) {
+        private boolean isSame(int place, int other) {
             int length = ends[place] - place;
             if (ends[other] - other != length) return false;
             for (int i = 0; i < length; i++) {
@@ -718,131 +846,295 @@ public final class Overloadery {
             if (one != NONE) at = copied(one * WIDTH, at);
             if (other != NONE) at = copied(other * WIDTH, at);
             parse(MADE * WIDTH, at);
-            return numberOf(MADE * WIDTH);
-        }
-
-        /** The number of a type, a new one if need be; NONE if it can't have one. */
-        int numberOf(int place) {
             for (int i = 0; i < numbered; i++) {
-                if (isSame(i * WIDTH, place)) return i;
+                if (isSame(i * WIDTH, MADE * WIDTH)) return i;
             }
             if (numbered >= NUMBERED) return NONE;
-            copyRow(place, numbered);
+            int row = numbered * WIDTH;
+            parse(row, copied(MADE * WIDTH, row));
             return numbered++;
         }
 
-        void pack(int place) {
-            int size = ends[place] - place;
-            long word = 0;
-            for (int i = place + Math.min(size, WORD) - 1; i >= place; i--) {
-                word = word << BITS | tokens[i];
+        /** The number of a type with an id, a new one if need be; NONE if it can't have one. */
+        int numberOf(int id) {
+            for (int i = 0; i < numbered; i++) {
+                if (ids[i] == id) return i;
             }
-            first = word;
-            word = 0;
-            for (int i = place + Math.min(size, TWO_WORDS) - 1; i >= place + WORD; i--) {
-                word = word << BITS | tokens[i];
+            if (numbered >= NUMBERED) return NONE;
+            int row = numbered * WIDTH;
+            int at = row;
+            int top = 1;
+            stack[0] = id;
+            for (int i = 0; i < LARGEST && top > 0; i++) {
+                int part = stack[--top];
+                int token = headOf(part);
+                tokens[at++] = token;
+                if (token >= TWOFOLD) stack[top++] = second(part);
+                if (token >= POINTER) stack[top++] = first(part);
             }
-            second = word;
-            word = 0;
-            for (int i = place + size - 1; i >= place + TWO_WORDS; i--) {
-                word = word << BITS | tokens[i];
-            }
-            third = word;
+            parse(row, at);
+            ids[numbered] = id;
+            return numbered++;
         }
 
-        void unpack(long one, long two, long three, int row) {
-            int at = row * WIDTH;
-            int left = 1;
-            long word = one;
-            for (int i = 0; i < LARGEST && left > 0; i++) {
-                if (i == WORD) word = two;
-                if (i == TWO_WORDS) word = three;
-                int token = (int) word & TOKEN;
-                word >>>= BITS;
-                tokens[at++] = token;
-                left += token < POINTER ? -1 : token < TWOFOLD ? 0 : 1;
+        /** Tells ids for all closed types with numbers. */
+        void tellIds() {
+            for (int i = 0; i < numbered; i++) {
+                if (ids[i] != NONE || isOpen(i)) continue;
+                makeRoom();
+                ids[i] = idOfRow(i * WIDTH);
             }
-            parse(row * WIDTH, at);
+        }
+
+        private int idOfRow(int row) {
+            int top = 0;
+            for (int i = ends[row] - 1; i >= row; i--) {
+                int token = tokens[i];
+                int one = token >= POINTER ? stack[--top] : 0;
+                int other = token >= TWOFOLD ? stack[--top] : 0;
+                stack[top++] = token >= POINTER ? idFor(token, one, other) : token;
+            }
+            return stack[0];
+        }
+
+        /** The classes and templates in a type with a number, as bits, those of the classes first. */
+        int contents(int number) {
+            int all = 0;
+            for (int i = number * WIDTH; i < ends[number * WIDTH]; i++) {
+                int token = tokens[i];
+                if (isClass(token)) all |= 1 << token - CLASS;
+                if (isInstance(token)) all |= 1 << Hierarchy.CLASSES + templateOf(token);
+            }
+            return all;
+        }
+
+        /** Whether a row of patterns matches another one, whose parameters stand for themselves. */
+        boolean matchesRow(int[] rows, int matching, int matched, int length) {
+            Arrays.fill(special, NONE);
+            for (int i = 0; i < length; i++) {
+                if (!matchesPlace(rows[matching + i] * WIDTH, rows[matched + i] * WIDTH)) return false;
+            }
+            return true;
+        }
+
+        private boolean matchesPlace(int pattern, int place) {
+            int at = place;
+            for (int i = pattern; i < ends[pattern]; i++) {
+                int token = tokens[i];
+                if (!isParameter(token)) {
+                    if (tokens[at++] != token) return false;
+                    continue;
+                }
+                int known = special[token - PARAMETER];
+                if (known == NONE) special[token - PARAMETER] = at;
+                else if (!isSame(known, at)) return false;
+                at = ends[at];
+            }
+            return true;
+        }
+
+        // ---- types with ids
+
+        int headOf(int id) {
+            return (int) nodes[id] & TOKEN;
+        }
+
+        int sizeOf(int id) {
+            return (int) (nodes[id] >> SIZE_AT) & TOKEN;
+        }
+
+        int first(int id) {
+            return (int) (nodes[id] >> FIRST_AT) & ID;
+        }
+
+        int second(int id) {
+            return (int) (nodes[id] >> SECOND_AT) & ID;
+        }
+
+        /** The id of a type that is made of up to two types; NONE if it is too large, or if there is no room. */
+        int idFor(int head, int one, int other) {
+            int size = 1 + ((int) (nodes[one] >> SIZE_AT) & TOKEN);
+            if (head >= TWOFOLD) size += (int) (nodes[other] >> SIZE_AT) & TOKEN;
+            if (size > LARGEST) return NONE;
+            long node = head | (long) size << SIZE_AT | (long) one << FIRST_AT | (long) other << SECOND_AT;
+            long mixed = node * MIX;
+            mixed = (mixed ^ mixed >>> 32) * MIX_MORE;
+            int spots = index.length * 3;
+            int at = (int) ((mixed >>> 33) * spots >>> 31);
+            int shift = 0;
+            for (int i = 0; i < spots; i++) {
+                shift = at % 3 * ID_BITS;
+                int id = (int) (index[at / 3] >>> shift) & ID;
+                if (id == 0) break;
+                if ((nodes[id] & TYPE) == node) return id;
+                at = at + 1 == spots ? 0 : at + 1;
+            }
+            if (count == nodes.length) {
+                isShort = true;
+                return NONE;
+            }
+            nodes[count] = node;
+            infos[count] = 0;
+            index[at / 3] |= (long) count << shift;
+            return count++;
         }
 
         void empty(int frame) {
-            for (int i = frame * PARAMETERS; i < (frame + 1) * PARAMETERS; i++) {
-                bound[i] = NONE;
-            }
+            bound[frame * PARAMETERS] = NONE;
+            bound[frame * PARAMETERS + 1] = NONE;
+            bound[frame * PARAMETERS + 2] = NONE;
         }
 
         void copyFrame(int from, int to) {
             System.arraycopy(bound, from * PARAMETERS, bound, to * PARAMETERS, PARAMETERS);
         }
 
-        /** Whether one or two patterns, which have numbers, match what stands from a place on; what is matched is gathered. */
-        boolean matches(int frame, int pattern, int secondPattern, int place) {
-            int at = place;
+        /** Whether one or two patterns, which have numbers, match one or two types; what is matched is gathered. */
+        boolean matches(int frame, int pattern, int secondPattern, int one, int other) {
+            int top = 0;
+            if (secondPattern != NONE) stack[top++] = other;
+            stack[top++] = one;
             int number = pattern;
             for (int i = 0; i < 2 && number != NONE; i++) {
                 int end = ends[number * WIDTH];
                 for (int j = number * WIDTH; j < end; j++) {
                     int token = tokens[j];
-                    if (token < PARAMETER || token >= POINTER) {
-                        if (tokens[at++] != token) return false;
+                    int id = stack[--top];
+                    if (token >= PARAMETER && token < POINTER) {
+                        int slot = frame * PARAMETERS + token - PARAMETER;
+                        if (bound[slot] == NONE) bound[slot] = id;
+                        else if (bound[slot] != id) return false;
                         continue;
                     }
-                    int slot = frame * PARAMETERS + token - PARAMETER;
-                    int known = bound[slot];
-                    int length = ends[at] - at;
-                    if (known == NONE) bound[slot] = at;
-                    else if (ends[known] - known != length) return false;
-                    for (int k = 0; k < length && known != NONE; k++) {
-                        if (tokens[known + k] != tokens[at + k]) return false;
-                    }
-                    at += length;
+                    long node = nodes[id];
+                    if (((int) node & TOKEN) != token) return false;
+                    if (token >= TWOFOLD) stack[top++] = (int) (node >> SECOND_AT) & ID;
+                    if (token >= POINTER) stack[top++] = (int) (node >> FIRST_AT) & ID;
                 }
                 number = secondPattern;
             }
             return true;
         }
 
-        /**
-         * Writes a type, which has a number, into a row, with the types for which its parameters stand; false if one stands
-         * for nothing, or if it would be too large.
-         */
-        boolean builds(int frame, int number, int row) {
-            int at = row * WIDTH;
-            int last = at + LARGEST;
-            int from = number * WIDTH;
-            int end = ends[from];
-            for (int i = from; i < end; i++) {
-                int token = tokens[i];
-                boolean isParameter = token >= PARAMETER && token < POINTER;
-                int place = isParameter ? bound[frame * PARAMETERS + token - PARAMETER] : i;
-                if (place == NONE) return false;
-                int length = isParameter ? ends[place] - place : 1;
-                if (at + length > last) return false;
-                spots[i - from] = at;
-                for (int j = 0; j < length; j++) {
-                    tokens[at + j] = tokens[place + j];
-                    ends[at + j] = ends[place + j] + at - place;
-                }
-                at += length;
+        /** A number of a type that is the same whatever its id is. */
+        int mixed(int id) {
+            long mixed = 0;
+            int top = 1;
+            stack[0] = id;
+            for (int i = 0; i < LARGEST && top > 0; i++) {
+                long node = nodes[stack[--top]];
+                int token = (int) node & TOKEN;
+                mixed = (mixed + token + 1) * MIX;
+                mixed ^= mixed >>> 29;
+                if (token >= TWOFOLD) stack[top++] = (int) (node >> SECOND_AT) & ID;
+                if (token >= POINTER) stack[top++] = (int) (node >> FIRST_AT) & ID;
             }
-            // The ends of what was copied are known; the others are those of what they are made of now.
-            for (int i = end - 1; i >= from; i--) {
-                int spot = spots[i - from];
-                if (tokens[i] < POINTER) continue;
-                ends[spot] = tokens[i] < TWOFOLD ? ends[spot + 1] : ends[ends[spot + 1]];
-            }
+            return (int) (mixed >>> 32);
+        }
+
+        // ---- room
+
+        /** Whether there was no room for a type since room was made. */
+        boolean isShort() {
+            return isShort;
+        }
+
+        /** Makes room for as many as may come about at once, and tells whether there is. */
+        boolean makeRoom() {
+            isShort = false;
+            int most = nodes.length;
+            if (most - count >= Math.min(SPARE, most >> 1)) return true;
+            if (stage + 1 == STAGES) return most - count >= SPARE;
+            stage++;
+            nodes = Arrays.copyOf(nodes, CAPACITIES[stage]);
+            infos = Arrays.copyOf(infos, CAPACITIES[stage]);
+            index = new long[CAPACITIES[stage] / 2];
+            enterAll();
             return true;
         }
 
-        /** The classes and templates in a type, as bits, those of the classes first. */
-        int contents(int place) {
-            int all = 0;
-            for (int i = place; i < ends[place]; i++) {
-                int token = tokens[i];
-                if (isClass(token)) all |= 1 << token - CLASS;
-                if (isInstance(token)) all |= 1 << Hierarchy.CLASSES + templateOf(token);
+        /** Whether there is some room yet. */
+        boolean hasSome() {
+            return nodes.length - count >= FEW;
+        }
+
+        /** Whether so much is kept that it is not worth while to go on. */
+        boolean isCrowded() {
+            return count > MOST - MOST / 8;
+        }
+
+        boolean isHalfFull() {
+            return count > MOST / 2;
+        }
+
+        private void enterAll() {
+            int spots = index.length * 3;
+            for (int id = POINTER; id < count; id++) {
+                long mixed = (nodes[id] & TYPE) * MIX;
+                mixed = (mixed ^ mixed >>> 32) * MIX_MORE;
+                int at = (int) ((mixed >>> 33) * spots >>> 31);
+                for (int i = 0; i < spots && ((int) (index[at / 3] >>> at % 3 * ID_BITS) & ID) != 0; i++) {
+                    at = at + 1 == spots ? 0 : at + 1;
+                }
+                index[at / 3] |= (long) id << at % 3 * ID_BITS;
             }
-            return all;
+        }
+
+        /** Forgets all ids. */
+        void forget() {
+            if (count > POINTER) Arrays.fill(index, 0);
+            Arrays.fill(ids, NONE);
+            for (int i = 0; i < POINTER; i++) {
+                nodes[i] &= TYPE;
+                infos[i] = 0;
+            }
+            count = POINTER;
+        }
+
+        /**
+         * Sheds the types that have no number, are not in another one that is kept, and have none of some marks. The others
+         * get new ids, which are told by moved() until remember().
+         */
+        void shed(long marks, long notes) {
+            for (int i = 0; i < numbered; i++) {
+                if (ids[i] != NONE) nodes[ids[i]] |= KEPT;
+            }
+            // What a type is made of has lower ids than the type itself.
+            for (int id = count - 1; id >= POINTER; id--) {
+                boolean hasMark = (nodes[id] & (marks | KEPT)) != 0 || (infos[id] & notes) != 0;
+                if (!hasMark && !Bodies.isChosen(infos[id])) continue;
+                nodes[id] |= KEPT;
+                nodes[first(id)] |= KEPT;
+                nodes[second(id)] |= KEPT;
+            }
+            Arrays.fill(index, 0);
+            int left = POINTER;
+            for (int id = POINTER; id < count; id++) {
+                if ((nodes[id] & KEPT) == 0) continue;
+                long parts = (long) moved(first(id)) << FIRST_AT | (long) moved(second(id)) << SECOND_AT;
+                long others = nodes[id] & ~KEPT & ~((long) ID << FIRST_AT | (long) ID << SECOND_AT);
+                index[id / 3] |= (long) left << id % 3 * ID_BITS;
+                nodes[left] = others | parts;
+                infos[left++] = infos[id];
+            }
+            for (int i = 0; i < numbered; i++) {
+                if (ids[i] != NONE) ids[i] = moved(ids[i]);
+            }
+            for (int i = 0; i < POINTER; i++) {
+                nodes[i] &= ~KEPT;
+            }
+            count = left;
+        }
+
+        /** The new id of a type, 0 if it was shed. */
+        int moved(int id) {
+            return id < POINTER ? id : (int) (index[id / 3] >>> id % 3 * ID_BITS) & ID;
+        }
+
+        /** Lets all types be found again after some were shed. */
+        void remember() {
+            Arrays.fill(index, 0);
+            enterAll();
         }
     }
 
@@ -887,9 +1179,9 @@ public final class Overloadery {
         private final int[] allowed = new int[SETS * PARAMETERS];
         private final int[] wanted = new int[SETS * PARAMETERS];
         /** For each number of steps, the classes at which the bases of an instance can end at most, as bits. */
-        private final int[] ends = new int[(Look.STEPS + 1) * TEMPLATES];
+        private final int[] ends = new int[(Chains.STEPS + 1) * TEMPLATES];
         /** For each number of steps by which an instance was come to, the classes to which it can lead at most, as bits. */
-        private final int[] led = new int[(Look.STEPS + 1) * TEMPLATES];
+        private final int[] led = new int[(Chains.STEPS + 1) * TEMPLATES];
         /** The classes to which a type can lead at most that begins with a token, as bits. */
         private final int[] reach = new int[NOTHING_THERE + 1];
         /** The classes and templates that can be met by way of an instance, as bits. */
@@ -939,14 +1231,14 @@ public final class Overloadery {
 
         /** Whether the constraints of a set hold for what is matched, as far as its kind tells it. */
         int fits(int frame, int set) {
-            int fits = Look.YES;
+            int fits = Chains.YES;
             for (int i = 0; i < PARAMETERS; i++) {
-                int place = types.bound[frame * PARAMETERS + i];
-                int head = place == NONE ? NOTHING_THERE : types.tokens[place];
-                if ((allowed[set * PARAMETERS + i] & KINDS[head]) == 0) return Look.NO;
+                int id = types.bound[frame * PARAMETERS + i];
+                int head = id == NONE ? NOTHING_THERE : (int) types.nodes[id] & Types.TOKEN;
+                if ((allowed[set * PARAMETERS + i] & KINDS[head]) == 0) return Chains.NO;
                 int classes = wanted[set * PARAMETERS + i];
-                if ((classes & ~reach[head]) != 0) return Look.NO;
-                if (classes != 0 && head >= Types.SINGLE) fits = Look.OPEN;
+                if ((classes & ~reach[head]) != 0) return Chains.NO;
+                if (classes != 0 && head >= Types.SINGLE) fits = Chains.OPEN;
             }
             return fits;
         }
@@ -1038,23 +1330,14 @@ public final class Overloadery {
                 }
                 if (isFirst) return 1 << own;
             }
-            return fitting == 0 ? 1 << Instances.ITSELF : 1 << Instances.UNSURE;
+            return fitting == 0 ? 1 << Bodies.ITSELF : 1 << Bodies.UNSURE;
         }
 
         /** Whether one row of patterns, with a set of constraints, is more special than another one. */
         boolean isMoreSpecial(int[] rows, int own, int other, int length, int ownSet, int otherSet) {
-            if (!matchesAll(rows, other, own, length)) return false;
-            if (!matchesAll(rows, own, other, length)) return true;
+            if (!types.matchesRow(rows, other, own, length)) return false;
+            if (!types.matchesRow(rows, own, other, length)) return true;
             return holdsAllOf(ownSet, otherSet) && !holdsAllOf(otherSet, ownSet);
-        }
-
-        private boolean matchesAll(int[] rows, int matching, int matched, int length) {
-            types.empty(Types.SPECIAL);
-            for (int i = 0; i < length; i++) {
-                int place = rows[matched + i] * Types.WIDTH;
-                if (!types.matches(Types.SPECIAL, rows[matching + i], NONE, place)) return false;
-            }
-            return true;
         }
 
         private boolean holdsAllOf(int set, int other) {
@@ -1076,7 +1359,7 @@ public final class Overloadery {
         void findEnds() {
             if (changes() == changesSeen) return;
             changesSeen = changes();
-            for (int steps = 1; steps <= Look.STEPS; steps++) {
+            for (int steps = 1; steps <= Chains.STEPS; steps++) {
                 for (int i = 0; i < count; i++) {
                     int all = 0;
                     for (int body = ITSELF; body < specialisations[i]; body++) {
@@ -1087,7 +1370,7 @@ public final class Overloadery {
                     ends[steps * TEMPLATES + i] = all;
                 }
             }
-            for (int step = 0; step < Look.STEPS; step++) {
+            for (int step = 0; step < Chains.STEPS; step++) {
                 for (int i = 0; i < count; i++) {
                     led[step * TEMPLATES + i] = foundLed(i, step);
                 }
@@ -1103,7 +1386,7 @@ public final class Overloadery {
 
         private int foundLed(int template, int step) {
             int all = 0;
-            for (int next = step + 1; next <= Look.STEPS; next++) {
+            for (int next = step + 1; next <= Chains.STEPS; next++) {
                 for (int cls = 0; cls < hierarchy.count(); cls++) {
                     if ((ends[(next - step) * TEMPLATES + template] >> cls & 1) == 1) all |= hierarchy.led(cls, next);
                 }
@@ -1185,7 +1468,7 @@ public final class Overloadery {
                 for (int i = 0; i < PARAMETERS && isPossible && body != ITSELF; i++) {
                     isPossible = canHold(place(template, body), i, about);
                 }
-                if (isPossible) all |= types.contents(base * Types.WIDTH);
+                if (isPossible) all |= types.contents(base);
             }
             return all;
         }
@@ -1209,7 +1492,7 @@ public final class Overloadery {
             if (classes == 0) return true;
             if (Types.isClass(head)) return hierarchy.leads(head - Types.CLASS, classes, 0);
             if (!Types.isInstance(head)) return false;
-            return hierarchy.oneLeads(ends[Look.STEPS * TEMPLATES + Types.templateOf(head)], classes, 1);
+            return hierarchy.oneLeads(ends[Chains.STEPS * TEMPLATES + Types.templateOf(head)], classes, 1);
         }
     }
 
@@ -1233,7 +1516,7 @@ public final class Overloadery {
         /** For each two classes, the parts to which there is a way without a virtual base. */
         private final int[] innerParts = new int[CLASSES * CLASSES];
         /** For each number of steps by which a class was come to, the classes to which it leads, as bits. */
-        private final int[] led = new int[(Look.STEPS + 1) * CLASSES];
+        private final int[] led = new int[(Chains.STEPS + 1) * CLASSES];
         /** The virtual bases of a class in the order in which they are made. */
         private final int[] virtuals = new int[CLASSES * CLASSES];
         private final int[] virtualCounts = new int[CLASSES];
@@ -1405,11 +1688,11 @@ public final class Overloadery {
         }
 
         private void findLed(int cls) {
-            for (int step = 0; step <= Look.STEPS; step++) {
+            for (int step = 0; step <= Chains.STEPS; step++) {
                 int all = 0;
                 for (int base = 0; base <= cls; base++) {
                     int steps = steps(cls, base);
-                    boolean isLed = step == 0 ? parts(cls, base) == 1 : step + steps <= Look.STEPS;
+                    boolean isLed = step == 0 ? parts(cls, base) == 1 : step + steps <= Chains.STEPS;
                     if (steps != NONE && isLed) all |= 1 << base;
                 }
                 led[step * CLASSES + cls] = all;
@@ -1504,731 +1787,926 @@ public final class Overloadery {
     }
 
     /**
-     * The instances whose bodies are looked for, each with the bodies that it can have. The body of one can follow from
-     * that of another one: then it is bound to this by a map, which tells a body for each body.
+     * The bodies that instances can have, for what is known or supposed: each as a set of codes, which are bits. What is
+     * known for good is told apart from what was chosen where there is a choice. Besides, which instances depend on which
+     * ones, and the trail of what was narrowed, so that it can be undone.
      */
-    private static final class Instances {
-        /** Bodies as codes, behind those of the specialisations. As bits, they are sets. */
+    private static final class Bodies {
+        /** Bodies as codes, behind those of the specialisations. */
         static final int ITSELF = Templates.EACH;
         static final int UNSURE = Templates.EACH + 1;
-        static final int BODIES = Templates.EACH + 2;
-        static final int ALL = (1 << BODIES) - 1;
+        static final int CODES = Templates.EACH + 2;
+        static final int ALL = (1 << CODES) - 1;
 
-        /** A map has three bits for each body; it tells NOWHERE for those that can't be. */
-        static final int SAME = 4 << 12 | 5 << 15 | 1 << 3 | 2 << 6 | 3 << 9;
-        static final int NOWHERE = 7;
-        private static final int CODE = 3;
-
-        /** The row of an instance: the three words of its type, its state, its marks. */
-        private static final int STATE = 3;
-        private static final int MARKS = 4;
-        private static final int ROW = 5;
-        /** The state: the bodies, whether one was settled, whether it is bound, to which one, by which map, and more. */
-        private static final int SETTLED_AT = 6;
-        private static final int BOUND_AT = 7;
-        private static final int TO_AT = 8;
-        private static final int MAP_AT = 30;
-        private static final int STRICT_AT = 48;
-        private static final int HELD_AT = 49;
-        private static final int DEPTH_AT = 50;
-        private static final long DEPTHS = 15L << DEPTH_AT;
-        private static final int KEPT_AT = 54;
-        private static final long UNKNOWN = ALL | (long) ALL << KEPT_AT;
-        private static final int PLACES = (1 << 22) - 1;
-        private static final int MAPS = (1 << 18) - 1;
-        /** The marks: the walk that came to it, when, whether it has left it, whether that was told earlier; and a place. */
-        private static final int TIME_AT = 16;
-        private static final int LEFT_AT = 41;
-        private static final int LOWERED_AT = 42;
+        /** What is noted of an instance: its bodies, those for good, marks, who depends on it, its place on the trail. */
+        private static final int SURE_AT = 6;
+        static final long MEMBER = 1L << 12;
+        static final long EXPANDED = 1L << 13;
+        static final long ON_PATH = 1L << 14;
+        static final long GOAL = 1L << 15;
+        static final long WAITING = 1L << 16;
+        static final long FACT = 1L << 17;
+        static final long CHANGED = 1L << 18;
+        /** Whether an instance has no body for some bodies of others, so that it rules these out. */
+        static final long STRICT = 1L << 19;
+        static final long EDGES = (long) Types.ID << 22;
+        private static final int EDGE_AT = 22;
         private static final int PLACE_AT = 43;
-        static final int MOST_WALKS = (1 << 16) - 2;
-        static final int MOST_TIMES = (1 << 25) - 2;
-        private static final int WALKS = (1 << 16) - 1;
-        private static final int TIMES = (1 << 25) - 1;
+        private static final int ID_BITS = 21;
 
-        /** No bounds of the document: those of the room in which the program lives. */
-        private static final int FEW = 1 << 9;
-        private static final int SPARE = 1 << 8;
+        /** An edge: who depends, or a nogood; the next edge; which of both it is. */
+        private static final int NEXT_AT = 21;
+        private static final long IS_NOGOOD = 1L << 42;
+        /** A place of the trail: an instance, its bodies ahead of that, its place ahead of that, and why. */
+        private static final int OLD_AT = 21;
+        private static final int BEFORE_AT = 27;
+        private static final int REASON_AT = 48;
+        private static final int REASONS = (1 << 15) - 1;
+
+        private static final int FEW = 1 << 6;
         private static final int MORE = 5;
-        static final int MOST = 1 << 19;
-        private static final int CROWD = MOST - MOST / 4;
-        static final int MOST_MEMBERS = 1 << 15;
-        private static final int MOST_MET = 1 << 7;
-        private static final int MOST_EDGES = 1 << 17;
+        static final int MOST_EDGES = 600_000;
+        static final int MOST_TRAILED = 400_000;
+        static final int MOST_LEVELS = 1 << 16;
+        static final int MOST_GOALS = 1 << 17;
+        private static final int MOST_SUPPOSED = 40;
 
-        /** What is noted of a member: the first of those who depend on it, who is queued at its place, and two truths. */
-        private static final int EDGE = 0;
-        private static final int QUEUED = 1;
-        private static final int NOTED = 2;
-        private static final int LINK = 3;
-        private static final int IS_QUEUED = 1;
-        private static final int IS_LINKED = 2;
+        private final Types types;
+        private final Templates templates;
+        private final int[] parts = new int[Types.LARGEST * 2];
+        private long[] edges = new long[FEW];
+        private int edgeCount = 1;
+        private int freeEdge;
+        private long[] trail = new long[FEW];
+        private int trailed;
+        private int[] levels = new int[FEW];
+        private int level;
+        /** The instances whose bodies are asked for. */
+        private int[] goals = new int[FEW];
+        private int goalCount;
+        private boolean isOver;
+        private boolean hasChosen;
+        private boolean hasSettled;
 
-        private int count;
-        private long[] rows = new long[FEW * ROW];
-        /** The instances and 1, each at a place that its words tell, or at the next one that is free. */
-        private int[] index = new int[FEW * 2];
-        /** The map of the one that was followed last. */
-        private int map;
-        /** How much is assumed; what is found then is noted with it. */
-        private int depth;
-        /** Those that were found since this is noted, unless they are too many. */
-        private final int[] met = new int[MOST_MET];
-        private int metCount;
-        /** Those for which bodies are tried, and the guesses on which the bodies of each depend, as bits. */
-        private int members;
-        private int[] memberRow = new int[0];
-        private long[] reasons = new long[0];
-        /** Who depends on them, and the queue of those that are to be looked at. */
-        private int[] links = new int[0];
-        private int[] edges = new int[0];
-        private int edgeCount;
-        private int queueStart;
-        private int queued;
+        Bodies(Types types, Templates templates) {
+            this.types = types;
+            this.templates = templates;
+        }
 
         static boolean isSingle(int set) {
             return (set & set - 1) == 0;
         }
 
-        /** The code of the first body of a set. */
+        /** The code of the only body of a set. */
         static int code(int set) {
-            int code = 0;
-            while (code < UNSURE && (set >> code & 1) == 0) {
-                code++;
+            return Integer.numberOfTrailingZeros(set);
+        }
+
+        /** The body that is tried first, as a set. */
+        static int preferred(int set) {
+            return (set >> ITSELF & 1) == 1 ? 1 << ITSELF : set & -set;
+        }
+
+        /** Whether an instance has fewer bodies than it has for good. */
+        static boolean isChosen(long info) {
+            return ((int) info & ALL) != ((int) (info >> SURE_AT) & ALL);
+        }
+
+        // ---- what instances can be
+
+        /** The bodies that an instance can have. */
+        int setOf(int id) {
+            int known = (int) types.infos[id] & ALL;
+            if (known != 0) return known;
+            long node = types.nodes[id];
+            int head = (int) node & Types.TOKEN;
+            int template = head >= Types.TWOFOLD ? head - Types.TWOFOLD : head - Types.SINGLE;
+            int one = (int) (node >> Types.FIRST_AT) & Types.ID;
+            int other = (int) (node >> Types.SECOND_AT) & Types.ID;
+            int sure = 0;
+            int maybe = 0;
+            for (int i = 0; i < templates.specialisations(template); i++) {
+                int pattern = templates.pattern(template, i, 0);
+                types.empty(Types.PART);
+                if (!types.matches(Types.PART, pattern, templates.pattern(template, i, 1), one, other)) continue;
+                int fits = templates.fits(Types.PART, template * Templates.EACH + i);
+                if (fits == Chains.YES) sure |= 1 << i;
+                if (fits == Chains.OPEN) maybe |= 1 << i;
             }
-            return code;
+            int set = templates.possible(template, sure, maybe);
+            types.infos[id] |= set | (long) set << SURE_AT;
+            return set;
         }
 
-        static int mapped(int map, int code) {
-            return map >> code * CODE & NOWHERE;
+        /** Whether just one body is left for an instance, of whose bodies something is known. */
+        boolean isDecided(int id) {
+            int set = (int) types.infos[id] & ALL;
+            return set != 0 && (set & set - 1) == 0;
         }
 
-        /** The bodies that a map tells for a set of bodies. */
-        static int image(int map, int set) {
-            int all = 0;
-            for (int i = 0; i < BODIES; i++) {
-                int code = map >> i * CODE & NOWHERE;
-                if ((set >> i & 1) == 1 && code != NOWHERE) all |= 1 << code;
+        /** Whether it is still to be found what goes with an instance. */
+        boolean isOpen(int id) {
+            int set = (int) types.infos[id] & ALL;
+            return set == 0 || (set & set - 1) != 0 || (types.infos[id] & STRICT) != 0;
+        }
+
+        /** The base of an instance with a body; NONE if it has none. */
+        int baseAt(int id, int body) {
+            long node = types.nodes[id];
+            int head = (int) node & Types.TOKEN;
+            int template = head >= Types.TWOFOLD ? head - Types.TWOFOLD : head - Types.SINGLE;
+            int told = body >= UNSURE ? NONE : templates.base(template, body == ITSELF ? Templates.ITSELF : body);
+            if (told == NONE) return NONE;
+            int one = (int) (node >> Types.FIRST_AT) & Types.ID;
+            int other = (int) (node >> Types.SECOND_AT) & Types.ID;
+            types.empty(Types.OF_BASE);
+            int[] bound = types.bound;
+            int frame = Types.OF_BASE * PARAMETERS;
+            if (body == ITSELF) {
+                bound[frame] = one;
+                bound[frame + 1] = head >= Types.TWOFOLD ? other : NONE;
+            } else {
+                int second = templates.pattern(template, body, 1);
+                if (!types.matches(Types.OF_BASE, templates.pattern(template, body, 0), second, one, other)) return NONE;
             }
-            return all;
-        }
-
-        /** The bodies for which a map tells one of a set. */
-        static int origin(int map, int set) {
-            int all = 0;
-            for (int i = 0; i < BODIES; i++) {
-                int code = map >> i * CODE & NOWHERE;
-                if (code != NOWHERE && (set >> code & 1) == 1) all |= 1 << i;
+            int from = told * Types.WIDTH;
+            int end = types.ends[from];
+            int size = 0;
+            for (int i = from; i < end; i++) {
+                int token = types.tokens[i];
+                boolean isParameter = token >= Types.PARAMETER && token < Types.POINTER;
+                int part = isParameter ? bound[frame + token - Types.PARAMETER] : 0;
+                if (part == NONE) return NONE;
+                size += (int) (types.nodes[part] >> Types.SIZE_AT) & Types.TOKEN;
             }
-            return all;
-        }
-
-        /** The map that tells what one map tells for what another one tells. */
-        static int chained(int map, int inner) {
-            int all = 0;
-            for (int i = 0; i < BODIES; i++) {
-                int code = inner >> i * CODE & NOWHERE;
-                all |= (code == NOWHERE ? NOWHERE : map >> code * CODE & NOWHERE) << i * CODE;
-            }
-            return all;
-        }
-
-        /** A number that tells a type apart from others. */
-        static long mixed(long one, long two, long three) {
-            long mixed = one * 0x9E3779B97F4A7C15L;
-            mixed = (mixed ^ mixed >>> 29 ^ two) * 0xBF58476D1CE4E5B9L;
-            mixed = (mixed ^ mixed >>> 32 ^ three) * 0x94D049BB133111EBL;
-            mixed = (mixed ^ mixed >>> 29) * 0x9E3779B97F4A7C15L;
-            return mixed ^ mixed >>> 32;
-        }
-
-        /** The place of an instance that is told by its words, and by what tells it apart; NONE if it is not there. */
-        int find(long one, long two, long three, long mixed) {
-            int mask = index.length - 1;
-            int at = (int) mixed & mask;
-            for (int i = 0; i <= mask && index[at] != 0; i++) {
-                int id = index[at] - 1;
-                if (rows[id * ROW] == one && rows[id * ROW + 1] == two && rows[id * ROW + 2] == three) {
-                    if (metCount < MOST_MET) met[metCount++] = id;
-                    return id;
+            if (size > Types.LARGEST) return NONE;
+            // The tokens are gone through from the last one on, so that what a type is made of is there ahead of it.
+            int top = 0;
+            for (int i = end - 1; i >= from; i--) {
+                int token = types.tokens[i];
+                if (token < Types.POINTER) {
+                    parts[top++] = token < Types.PARAMETER ? token : bound[frame + token - Types.PARAMETER];
+                    continue;
                 }
-                at = at + 1 & mask;
+                int part = parts[--top];
+                int made = types.idFor(token, part, token < Types.TWOFOLD ? 0 : parts[--top]);
+                if (made == NONE) return NONE;
+                parts[top++] = made;
             }
-            return NONE;
+            return parts[0];
         }
 
-        void clearMet() {
-            metCount = 0;
-        }
-
-        /** Holds all those that were found since clearMet(). */
-        void holdMet() {
-            for (int i = 0; i < metCount; i++) {
-                hold(met[i]);
+        /** The bodies that an instance could have when the trail had a length. */
+        int setBefore(int id, int time) {
+            int set = (int) types.infos[id] & ALL;
+            int place = (int) (types.infos[id] >>> PLACE_AT) - 1;
+            while (place >= time) {
+                set = (int) (trail[place] >> OLD_AT) & ALL;
+                place = ((int) (trail[place] >> BEFORE_AT) & Types.ID) - 1;
             }
+            return set;
         }
 
-        /** Puts an instance that is not there yet; NONE if there is no room. */
-        int put(long one, long two, long three, int set) {
-            int row = count * ROW;
-            if (row + ROW > rows.length) return NONE;
-            rows[row] = one;
-            rows[row + 1] = two;
-            rows[row + 2] = three;
-            rows[row + STATE] = fresh(depth == 0 ? set : ALL) & ~(long) ALL | set | (long) depth << DEPTH_AT;
-            rows[row + MARKS] = 0;
-            enter(count, mixed(one, two, three));
-            return count++;
-        }
-
-        /** The state of an instance of which just its bodies are known. */
-        private static long fresh(int set) {
-            return set | (long) set << KEPT_AT;
-        }
-
-        private void enterAll() {
-            for (int i = 0; i < count; i++) {
-                enter(i, mixed(rows[i * ROW], rows[i * ROW + 1], rows[i * ROW + 2]));
+        /** Whether the bodies of an instance were narrowed when the trail had a length. */
+        boolean isNarrowed(int id, int time) {
+            int place = (int) (types.infos[id] >>> PLACE_AT) - 1;
+            while (place >= time) {
+                place = ((int) (trail[place] >> BEFORE_AT) & Types.ID) - 1;
             }
-        }
-
-        private void enter(int id, long mixed) {
-            int mask = index.length - 1;
-            int at = (int) mixed & mask;
-            for (int i = 0; i <= mask && index[at] != 0; i++) {
-                at = at + 1 & mask;
-            }
-            index[at] = id + 1;
-        }
-
-        /** Makes room for as many as are put at once. */
-        void makeRoom() {
-            int most = rows.length / ROW;
-            if (count + SPARE <= most || most >= MOST) return;
-            int next = Math.min(MOST, most << MORE);
-            rows = Arrays.copyOf(rows, next * ROW);
-            index = new int[next * 2];
-            enterAll();
-        }
-
-        /** Whether there may be no room for as many as are put at once. */
-        boolean isFull() {
-            return count + SPARE > MOST;
-        }
-
-        /** Marks an instance, and those to which it is bound, as ones that are not shed. */
-        void hold(int id) {
-            int at = id;
-            for (int i = 0; i < MOST && (rows[at * ROW + STATE] >> HELD_AT & 1) == 0; i++) {
-                rows[at * ROW + STATE] |= 1L << HELD_AT;
-                if (isBound(at)) at = (int) (rows[at * ROW + STATE] >> TO_AT) & PLACES;
-            }
-        }
-
-        /** Sheds all instances that are not held. The others get new places, which are told by moved() until remember(). */
-        void shed() {
-            Arrays.fill(index, NONE);
-            int left = 0;
-            for (int id = 0; id < count; id++) {
-                if ((rows[id * ROW + STATE] >> HELD_AT & 1) == 0) continue;
-                index[id] = left;
-                for (int i = 0; i < ROW; i++) {
-                    rows[left * ROW + i] = rows[id * ROW + i];
-                }
-                left++;
-            }
-            count = left;
-            for (int id = 0; id < count; id++) {
-                long state = rows[id * ROW + STATE] & ~(1L << HELD_AT);
-                int to = (int) (state >> TO_AT) & PLACES;
-                int next = isBound(id) ? index[to] : NONE;
-                if (next != NONE) state = state & ~((long) PLACES << TO_AT) | (long) next << TO_AT;
-                rows[id * ROW + STATE] = isBound(id) && next == NONE ? UNKNOWN : state;
-            }
-        }
-
-        int moved(int id) {
-            return index[id];
-        }
-
-        /** Lets all instances be found again after they were moved. */
-        void remember() {
-            Arrays.fill(index, 0);
-            enterAll();
-        }
-
-        /** Forgets all instances; the last ones first, so that those ahead of them are still found. */
-        void forget() {
-            int mask = index.length - 1;
-            for (int id = count - 1; id >= 0; id--) {
-                int row = id * ROW;
-                int at = (int) mixed(rows[row], rows[row + 1], rows[row + 2]) & mask;
-                for (int i = 0; i <= mask && index[at] != id + 1; i++) {
-                    at = at + 1 & mask;
-                }
-                index[at] = 0;
-            }
-            count = 0;
-            members = 0;
-            depth = 0;
-        }
-
-        int count() {
-            return count;
-        }
-
-        boolean isCrowded() {
-            return count > CROWD;
-        }
-
-        long word(int id, int at) {
-            return rows[id * ROW + at];
-        }
-
-        // ---- what is known
-
-        int set(int id) {
-            return (int) rows[id * ROW + STATE] & ALL;
-        }
-
-        /** Lets an instance have fewer bodies. If something is assumed, those that it had without that are kept, too. */
-        void putSet(int id, int set) {
-            int at = id * ROW + STATE;
-            long kept = depth == 0 ? (long) set << KEPT_AT : rows[at] & (long) ALL << KEPT_AT;
-            if (set == ((int) rows[at] & ALL)) return;
-            rows[at] = rows[at] & ~(ALL | DEPTHS | (long) ALL << KEPT_AT) | set | (long) depth << DEPTH_AT | kept;
-        }
-
-        /** Lets an instance have a body whether this follows from others or not. */
-        void settle(int id, int set) {
-            long kept = depth == 0 ? (long) set << KEPT_AT : rows[id * ROW + STATE] & (long) ALL << KEPT_AT;
-            rows[id * ROW + STATE] = set | 1L << SETTLED_AT | (long) depth << DEPTH_AT | kept;
-        }
-
-        void putDepth(int depth) {
-            this.depth = depth;
-        }
-
-        /** Forgets what depends on what was assumed last; those can be come to again that were come to from a time on. */
-        void forgetAssumed(int walk, int time, int next) {
-            for (int id = 0; id < count; id++) {
-                long state = rows[id * ROW + STATE];
-                if ((state & DEPTHS) == (long) depth << DEPTH_AT) rows[id * ROW + STATE] = fresh((int) (state >> KEPT_AT) & ALL);
-                if (walk(id) == walk && time(id) >= time) rows[id * ROW + MARKS] = next;
-            }
-        }
-
-        boolean isSettled(int id) {
-            return (rows[id * ROW + STATE] >> SETTLED_AT & 1) == 1;
-        }
-
-        /** Notes that an instance may have no body for some bodies of others. */
-        void restrict(int id) {
-            rows[id * ROW + STATE] |= 1L << STRICT_AT;
-        }
-
-        boolean isStrict(int id) {
-            return (rows[id * ROW + STATE] >> STRICT_AT & 1) == 1;
-        }
-
-        boolean isBound(int id) {
-            return (rows[id * ROW + STATE] >> BOUND_AT & 1) == 1;
-        }
-
-        void bind(int id, int to, int map) {
-            long bound = 1L << BOUND_AT | (long) depth << DEPTH_AT | rows[id * ROW + STATE] & (long) ALL << KEPT_AT;
-            rows[id * ROW + STATE] = bound | (long) to << TO_AT | (long) map << MAP_AT;
-        }
-
-        /** The one to which an instance is bound by one or more maps, or itself; how is told by map(). */
-        int follow(int id) {
-            int at = id;
-            int all = SAME;
-            int hops = 0;
-            long state = rows[id * ROW + STATE];
-            for (; hops < MOST && (state >> BOUND_AT & 1) == 1; hops++) {
-                int next = 0;
-                for (int i = 0; i < BODIES; i++) {
-                    int code = (int) (state >> MAP_AT + i * CODE) & NOWHERE;
-                    next |= (code == NOWHERE ? NOWHERE : all >> code * CODE & NOWHERE) << i * CODE;
-                }
-                all = next;
-                at = (int) (state >> TO_AT) & PLACES;
-                state = rows[at * ROW + STATE];
-            }
-            boolean isTold = (state >> SETTLED_AT & 1) == 0;
-            for (int i = 0; i < BODIES && !isTold; i++) {
-                isTold = (state >> i & 1) == 1 && (all >> i * CODE & NOWHERE) != NOWHERE;
-            }
-            if (!isTold) {
-                // The other one was settled otherwise than by what it was bound with.
-                rows[id * ROW + STATE] = UNKNOWN;
-                all = SAME;
-                at = id;
-            }
-            if (isTold && hops > 1 && depth == 0) {
-                rows[id * ROW + STATE] = 1L << BOUND_AT | (long) at << TO_AT | (long) all << MAP_AT;
-            }
-            map = all;
-            return at;
-        }
-
-        int map() {
-            return map;
-        }
-
-        /** The bodies that an instance can have, by way of the one to which it is bound. */
-        int whole(int id) {
-            int at = follow(id);
-            return image(map, set(at));
+            return place != NONE;
         }
 
         // ---- marks
 
-        void come(int id, int walk, int time, int place) {
-            rows[id * ROW + MARKS] = walk | (long) time << TIME_AT | (long) place << PLACE_AT;
+        boolean is(int id, long mark) {
+            return (types.infos[id] & mark) != 0;
         }
 
-        int walk(int id) {
-            return (int) rows[id * ROW + MARKS] & WALKS;
+        void mark(int id, long mark) {
+            types.infos[id] |= mark;
         }
 
-        int time(int id) {
-            return (int) (rows[id * ROW + MARKS] >> TIME_AT) & TIMES;
+        void unmark(int id, long mark) {
+            types.infos[id] &= ~mark;
         }
 
-        /** Lets an instance have been come to earlier, as one that was come to then depends on it. */
-        void lower(int id, int time) {
-            int at = id * ROW + MARKS;
-            rows[at] = rows[at] & ~((long) TIMES << TIME_AT) | (long) time << TIME_AT | 1L << LOWERED_AT;
-        }
-
-        boolean isLowered(int id) {
-            return (rows[id * ROW + MARKS] >> LOWERED_AT & 1) == 1;
-        }
-
-        boolean isLeft(int id) {
-            return (rows[id * ROW + MARKS] >> LEFT_AT & 1) == 1;
-        }
-
-        void leave(int id) {
-            rows[id * ROW + MARKS] |= 1L << LEFT_AT;
-        }
-
-        int place(int id) {
-            return (int) (rows[id * ROW + MARKS] >> PLACE_AT);
-        }
-
-        // ---- members
-
-        int members() {
-            return members;
-        }
-
-        int member(int at) {
-            return memberRow[at];
-        }
-
-        void clearMembers() {
-            members = 0;
-        }
-
-        /** Takes an instance among the members, unless there is no room. */
-        boolean takes(int id) {
-            if (members >= MOST_MEMBERS) return false;
-            if (members == memberRow.length) {
-                memberRow = Arrays.copyOf(memberRow, Math.min(MOST_MEMBERS, Math.max(FEW, members << MORE)));
-                reasons = Arrays.copyOf(reasons, memberRow.length);
-                links = new int[memberRow.length * LINK];
+        /** Takes marks away from all types. */
+        void unmarkAll(long marks) {
+            for (int id = 0; id < types.count; id++) {
+                types.infos[id] &= ~marks;
             }
-            int at = id * ROW + MARKS;
-            rows[at] = rows[at] & (1L << PLACE_AT) - 1 | (long) members << PLACE_AT;
-            memberRow[members] = id;
-            reasons[members++] = 0;
+        }
+
+        // ---- what is known, and what was chosen
+
+        boolean hasChosen() {
+            return hasChosen;
+        }
+
+        /** Whether bodies were settled for which no way was found. */
+        boolean hasSettled() {
+            return hasSettled;
+        }
+
+        /** Lets an instance have fewer bodies, of those that were found; for good unless this depends on what was chosen. */
+        void learn(int id, int found, boolean isSure) {
+            long info = types.infos[id];
+            int set = (int) info & ALL & found;
+            int sure = (int) (info >> SURE_AT) & ALL;
+            if (isSure && (sure & found) != 0) sure &= found;
+            types.infos[id] = info & ~(ALL | (long) ALL << SURE_AT) | set | (long) sure << SURE_AT;
+            if (isSingle(set)) types.infos[id] |= FACT;
+            if (set != sure) hasChosen = true;
+        }
+
+        /** Lets an instance have a body that does not follow. */
+        void settle(int id, int set) {
+            types.infos[id] = types.infos[id] & ~(long) ALL | set | FACT;
+            hasChosen = true;
+            hasSettled = true;
+        }
+
+        /** Lets the bodies that were chosen be open again. */
+        void forgetChosen() {
+            for (int id = 0; id < types.count; id++) {
+                long info = types.infos[id];
+                types.infos[id] = info & ~(long) ALL | info >> SURE_AT & ALL;
+            }
+            hasChosen = false;
+            hasSettled = false;
+        }
+
+        // ---- who depends on whom
+
+        /** Forgets who depends on whom. */
+        void forgetEdges() {
+            edgeCount = 1;
+            freeEdge = 0;
+            unmarkAll(EDGES | MEMBER | EXPANDED | CHANGED);
+        }
+
+        /** Notes that an instance depends on another one; false if there is no room. */
+        boolean links(int id, int other) {
+            int edge = freeEdge;
+            if (edge != 0) freeEdge = nextEdge(edge);
+            else if (hasEdges(1)) edge = edgeCount++;
+            else return false;
+            edges[edge] = id | (long) firstEdge(other) << NEXT_AT;
+            putFirstEdge(other, edge);
             return true;
         }
 
-        boolean isMember(int id) {
-            int place = place(id);
-            return place < members && memberRow[place] == id;
+        /** Whether there is room for so many more edges. */
+        boolean hasEdges(int more) {
+            while (edgeCount + more > edges.length && edges.length < MOST_EDGES) {
+                edges = Arrays.copyOf(edges, Math.min(MOST_EDGES, edges.length << MORE));
+            }
+            return edgeCount + more <= edges.length;
         }
 
-        /** Queues all members, of none of whom is known who depends on them. */
-        void queueAll() {
-            edgeCount = 0;
-            queueStart = 0;
-            queued = members;
-            for (int i = 0; i < members; i++) {
-                links[i * LINK + EDGE] = NONE;
-                links[i * LINK + QUEUED] = i;
-                links[i * LINK + NOTED] = IS_QUEUED;
+        /**
+         * Notes that a nogood is about an instance, if there is room; these edges are taken away again, the last one first.
+         */
+        void linkNogood(int nogood, int id) {
+            long info = types.infos[id];
+            edges[edgeCount] = nogood | (info >> EDGE_AT & Types.ID) << NEXT_AT | IS_NOGOOD;
+            types.infos[id] = info & ~EDGES | (long) edgeCount++ << EDGE_AT;
+        }
+
+        void unlinkNogood(int id) {
+            long info = types.infos[id];
+            long next = edges[(int) (info >> EDGE_AT) & Types.ID] >> NEXT_AT & Types.ID;
+            types.infos[id] = info & ~EDGES | next << EDGE_AT;
+            edgeCount--;
+        }
+
+        int firstEdge(int id) {
+            return (int) (types.infos[id] >> EDGE_AT) & Types.ID;
+        }
+
+        private void putFirstEdge(int id, int edge) {
+            types.infos[id] = types.infos[id] & ~EDGES | (long) edge << EDGE_AT;
+        }
+
+        int nextEdge(int edge) {
+            return (int) (edges[edge] >> NEXT_AT) & Types.ID;
+        }
+
+        boolean isNogood(int edge) {
+            return (edges[edge] & IS_NOGOOD) != 0;
+        }
+
+        /** Who depends, or the nogood. */
+        int target(int edge) {
+            return (int) edges[edge] & Types.ID;
+        }
+
+        /** Takes away the first edge of an instance whose body is known. */
+        void dropEdge(int id) {
+            int edge = firstEdge(id);
+            putFirstEdge(id, nextEdge(edge));
+            edges[edge] = edges[edge] & ~((long) Types.ID << NEXT_AT) | (long) freeEdge << NEXT_AT;
+            freeEdge = edge;
+        }
+
+        /** Takes over the new ids of instances. */
+        void moveIds() {
+            for (int i = 1; i < edgeCount; i++) {
+                edges[i] = edges[i] & ~(long) Types.ID | types.moved(target(i));
+            }
+            int left = 0;
+            for (int i = 0; i < goalCount; i++) {
+                int id = types.moved(goals[i]);
+                if (id != 0) goals[left++] = id;
+            }
+            goalCount = left;
+        }
+
+        // ---- the trail
+
+        int trailed() {
+            return trailed;
+        }
+
+        boolean hasRoom() {
+            return trailed < MOST_TRAILED - CODES && level < MOST_LEVELS - 1;
+        }
+
+        /** The place of an instance on the trail, NONE if it is not there. */
+        int place(int id) {
+            return (int) (types.infos[id] >>> PLACE_AT) - 1;
+        }
+
+        int idAt(int place) {
+            return (int) trail[place] & Types.ID;
+        }
+
+        int oldSet(int place) {
+            return (int) (trail[place] >> OLD_AT) & ALL;
+        }
+
+        int reason(int place) {
+            return (int) (trail[place] >>> REASON_AT) & REASONS;
+        }
+
+        /** Narrows the bodies of an instance so that it can be undone. */
+        void narrow(int id, int set, int reason) {
+            if (trailed == trail.length) trail = Arrays.copyOf(trail, Math.min(MOST_TRAILED, trailed << MORE));
+            long info = types.infos[id];
+            long old = info & ALL;
+            trail[trailed] = id | old << OLD_AT | (info >>> PLACE_AT) << BEFORE_AT | (long) reason << REASON_AT;
+            trailed++;
+            types.infos[id] = info & (1L << PLACE_AT) - 1 & ~(long) ALL | set | (long) trailed << PLACE_AT;
+        }
+
+        void undo(int left) {
+            while (trailed > left) {
+                trailed--;
+                long place = trail[trailed];
+                int id = (int) place & Types.ID;
+                long info = types.infos[id] & (1L << PLACE_AT) - 1 & ~(long) ALL;
+                types.infos[id] = info | place >> OLD_AT & ALL | (place >> BEFORE_AT & Types.ID) << PLACE_AT;
             }
         }
 
-        void queue(int place) {
-            if ((links[place * LINK + NOTED] & IS_QUEUED) != 0) return;
-            links[place * LINK + NOTED] |= IS_QUEUED;
-            int end = queueStart + queued;
-            if (end >= members) end -= members;
-            links[end * LINK + QUEUED] = place;
-            queued++;
-        }
-
-        /** Queues a member and those who depend on it. */
-        void queueFrom(int id) {
-            int place = place(id);
-            queue(place);
-            int edge = links[place * LINK + EDGE];
-            for (int i = 0; i < edgeCount && edge != NONE; i++) {
-                queue(edges[edge * 2]);
-                edge = edges[edge * 2 + 1];
+        /** Takes over what is on the trail; what was narrowed ahead of all guesses is so for good, if it is sure. */
+        void keepTrail(boolean isSure) {
+            int guessed = startOf(1);
+            for (int i = 0; i < guessed && isSure; i++) {
+                int id = idAt(i);
+                long sure = (long) setBefore(id, guessed) << SURE_AT;
+                types.infos[id] = types.infos[id] & ~((long) ALL << SURE_AT) | sure;
             }
+            for (int i = 0; i < trailed; i++) {
+                int id = idAt(i);
+                long info = types.infos[id] & (1L << PLACE_AT) - 1;
+                types.infos[id] = isSingle((int) info & ALL) ? info | FACT : info;
+                if (isChosen(info)) hasChosen = true;
+            }
+            trailed = 0;
+            level = 0;
         }
 
-        /** The place of the next member of the queue, who leaves it; NONE if there is none. */
-        int nextQueued() {
-            if (queued == 0) return NONE;
-            int place = links[queueStart * LINK + QUEUED];
-            queueStart = queueStart + 1 == members ? 0 : queueStart + 1;
-            queued--;
-            links[place * LINK + NOTED] &= ~IS_QUEUED;
+        int level() {
+            return level;
+        }
+
+        /** Begins a level with a guess. */
+        void startLevel() {
+            if (level == levels.length) levels = Arrays.copyOf(levels, Math.min(MOST_LEVELS, level << MORE));
+            levels[level++] = trailed;
+        }
+
+        /** Where a level begins on the trail. */
+        int startOf(int which) {
+            return which > level ? trailed : which == 0 ? 0 : levels[which - 1];
+        }
+
+        void undoLevels(int left) {
+            undo(startOf(left + 1));
+            level = Math.min(level, left);
+        }
+
+        /** The level of a place of the trail. */
+        int levelOf(int place) {
+            int low = 0;
+            int high = level;
+            for (int i = 0; i < Integer.SIZE && low < high; i++) {
+                int middle = low + high + 1 >> 1;
+                if (levels[middle - 1] <= place) low = middle;
+                else high = middle - 1;
+            }
+            return low;
+        }
+
+        /** Where an instance was narrowed to some bodies; NONE if it always had no others. */
+        int placeOf(int id, int set) {
+            int place = (int) (types.infos[id] >>> PLACE_AT) - 1;
+            while (place != NONE && ((int) (trail[place] >> OLD_AT) & ALL & ~set) == 0) {
+                place = ((int) (trail[place] >> BEFORE_AT) & Types.ID) - 1;
+            }
             return place;
         }
 
-        /** Whether it is noted on whom a member depends; it is from now on. */
-        boolean isLinked(int place) {
-            boolean isLinked = (links[place * LINK + NOTED] & IS_LINKED) != 0;
-            links[place * LINK + NOTED] |= IS_LINKED;
-            return isLinked;
+        // ---- goals, and what is supposed of them
+
+        int goals() {
+            return goalCount;
         }
 
-        /** Notes that a member depends on another one. */
-        void link(int place, int other) {
-            if (!isMember(other) || edgeCount == MOST_EDGES) return;
-            if ((edgeCount + 1) * 2 > edges.length) {
-                edges = Arrays.copyOf(edges, Math.max(FEW, Math.min(MOST_EDGES * 2, edges.length << MORE)));
+        int goal(int at) {
+            return goals[at];
+        }
+
+        void clearGoals() {
+            if (goalCount > 0) unmarkAll(GOAL | WAITING);
+            goalCount = 0;
+        }
+
+        /** Takes an instance among those whose bodies are asked for. */
+        void addGoal(int id, long mark) {
+            if ((types.infos[id] & (GOAL | mark)) == (GOAL | mark)) return;
+            types.infos[id] |= GOAL | mark;
+            if (goalCount == goals.length) {
+                if (goalCount == MOST_GOALS) return;
+                goals = Arrays.copyOf(goals, Math.min(MOST_GOALS, goalCount << MORE));
             }
-            int at = place(other) * LINK + EDGE;
-            edges[edgeCount * 2] = place;
-            edges[edgeCount * 2 + 1] = links[at];
-            links[at] = edgeCount++;
+            goals[goalCount++] = id;
         }
 
-        /** The guesses on which the body of an instance depends, as bits. */
-        long reasons(int id) {
-            int place = (int) (rows[id * ROW + MARKS] >> PLACE_AT);
-            return place < members && memberRow[place] == id ? reasons[place] : 0;
+        /** Leaves only those among the goals that wait, and tells how many these are. */
+        int keepWaiting() {
+            int left = 0;
+            for (int i = 0; i < goalCount; i++) {
+                if (is(goals[i], WAITING)) goals[left++] = goals[i];
+            }
+            goalCount = left;
+            return left;
         }
 
-        /** The same for one that is a member. */
-        void putReasons(int id, long guesses) {
-            reasons[(int) (rows[id * ROW + MARKS] >> PLACE_AT)] = guesses;
-        }
-    }
-
-    /**
-     * Those for whom a body is supposed, and which one. The first of them is the instance that is looked at. All that can
-     * be supposed comes in turn: what was supposed last changes first.
-     */
-    private static final class Supposals {
-        static final int MOST = 40;
-        private static final int WORDS = 6;
-        /** Where the words of the instance are whose body was asked for, while another one decides on that. */
-        private static final int ASKED = 3;
-        /** The row of one: its place among the instances or NONE, its bodies, and that which is supposed, or NONE. */
-        private static final int SET = 1;
-        private static final int SUPPOSED = 2;
-        private static final int ROW = 3;
-
-        private final long[] words = new long[MOST * WORDS];
-        private final int[] rows = new int[MOST * ROW];
-        private int count;
-        /** For whom something is supposed, in this order, and what is left to suppose. */
-        private final int[] order = new int[MOST * 2];
-        private int supposed;
-        /** Whether there were too many. */
-        private boolean isOver;
-
-        int count() {
-            return count;
+        boolean areDecided() {
+            for (int i = 0; i < goalCount; i++) {
+                if (!isDecided(goals[i])) return false;
+            }
+            return true;
         }
 
-        int id(int at) {
-            return rows[at * ROW];
-        }
-
-        int set(int at) {
-            return rows[at * ROW + SET];
-        }
-
-        /** What is supposed, NONE for nothing. */
-        int body(int at) {
-            return rows[at * ROW + SUPPOSED];
-        }
-
-        long word(int at, int word) {
-            return words[at * WORDS + word];
-        }
-
-        /** A word of the instance for whose body one was put. */
-        long askedWord(int at, int word) {
-            return words[at * WORDS + ASKED + word];
-        }
-
-        /** Notes for whose body one was put. */
-        void putAsked(int at, long one, long two, long three) {
-            words[at * WORDS + ASKED] = one;
-            words[at * WORDS + ASKED + 1] = two;
-            words[at * WORDS + ASKED + 2] = three;
-        }
-
+        /** Whether more had to be supposed than can be. */
         boolean isOver() {
             return isOver;
         }
 
-        void setOver() {
-            isOver = true;
+        /** Supposes the first body of an instance that can have several ones, and tells its code. */
+        int suppose(int id) {
+            addGoal(id, 0);
+            int set = (int) types.infos[id] & ALL;
+            if (trailed == MOST_SUPPOSED) isOver = true;
+            else narrow(id, set & -set, 0);
+            return code(set);
         }
 
-        /** Lets the first one be an instance that is told by its words. */
-        void putFirst(long one, long two, long three, int id) {
-            words[0] = one;
-            words[1] = two;
-            words[2] = three;
-            rows[0] = id;
-        }
-
-        /** Forgets all but so many of them, and what is supposed. */
-        void clear(int left) {
-            count = left;
-            supposed = 0;
-            isOver = false;
-            for (int i = 0; i < left; i++) {
-                rows[i * ROW + SUPPOSED] = NONE;
-            }
-        }
-
-        /** Drops those behind the first ones, for whom nothing is supposed yet. */
-        void drop(int left) {
-            count = left;
-        }
-
-        /** The place of one here, who is put if need be; NONE if there are too many. */
-        int place(long one, long two, long three, int id, int set) {
-            int place = NONE;
-            for (int i = 0; i < count && place == NONE; i++) {
-                int at = i * WORDS;
-                if (words[at] == one && words[at + 1] == two && words[at + 2] == three) place = i;
-            }
-            if (place == NONE && count == MOST) return NONE;
-            if (place == NONE) {
-                place = count++;
-                words[place * WORDS] = one;
-                words[place * WORDS + 1] = two;
-                words[place * WORDS + 2] = three;
-                rows[place * ROW] = id;
-                rows[place * ROW + SUPPOSED] = NONE;
-            }
-            rows[place * ROW + SET] = set;
-            return place;
-        }
-
-        /** The body that is supposed for one, the first that there is if there is none yet. */
-        int bodyOf(int at) {
-            if (at == NONE) {
-                isOver = true;
-                return Instances.UNSURE;
-            }
-            int row = at * ROW;
-            if (rows[row + SUPPOSED] == NONE) {
-                rows[row + SUPPOSED] = Instances.code(rows[row + SET]);
-                order[supposed * 2] = at;
-                order[supposed * 2 + 1] = rows[row + SET] & rows[row + SET] - 1;
-                supposed++;
-            }
-            return rows[row + SUPPOSED];
-        }
-
-        /** Goes on to suppose something else; false if there is nothing else. */
-        boolean advances() {
-            while (supposed > 0 && !isOver) {
-                int at = (supposed - 1) * 2;
-                int row = order[at] * ROW;
-                int left = order[at + 1];
+        /** Goes on to suppose something else: what was supposed last changes first; false if there is nothing else. */
+        boolean supposesNext() {
+            while (trailed > 0 && !isOver) {
+                int place = trailed - 1;
+                int id = idAt(place);
+                int now = (int) types.infos[id] & ALL;
+                int left = oldSet(place) & -(now << 1);
                 if (left != 0) {
-                    rows[row + SUPPOSED] = Instances.code(left);
-                    order[at + 1] = left & left - 1;
+                    types.infos[id] = types.infos[id] & ~(long) ALL | left & -left;
                     return true;
                 }
-                rows[row + SUPPOSED] = NONE;
-                supposed--;
+                undo(place);
             }
             return false;
+        }
+
+        void endSupposing() {
+            undo(0);
+            isOver = false;
+        }
+
+        /** Forgets all; to be called when types are forgotten. */
+        void forget() {
+            edgeCount = 1;
+            freeEdge = 0;
+            goalCount = 0;
+            trailed = 0;
+            level = 0;
+            hasChosen = false;
+            hasSettled = false;
         }
     }
 
     /**
-     * Looks at instances: which bodies one can have, for what is known of others, and on whose bodies this depends. Where
-     * one of these is not known, each one that can be is supposed, one after another.
+     * Goes from types along their bases, by all bodies that instances can have, for what is known or supposed; and notes on
+     * whose bodies it depends what is found.
      */
-    private static final class Look {
+    private static final class Chains {
         static final int STEPS = 6;
         /** Whether a constraint holds. */
         static final int NO = 0;
         static final int YES = 1;
         static final int OPEN = 2;
-        private static final int OPEN_STEPS = -3;
-        private static final int PATHS = 1 << 18;
+        static final int OPEN_STEPS = -3;
 
-        /** How often bodies are supposed; what needs more must be found in parts. */
-        private static final int RUNS = 1 << 10;
-        static final int MOST_OPEN = Templates.EACH * PARAMETERS;
-        /**
-         * A constraint that is open: the specialisation, the classes to which a type must lead, the place of the one on the
-         * way whose body is not known, how many steps there are to it, for whom something is supposed there, and how that
-         * tells its body.
-         */
-        private static final int CLASSES = 1;
-        private static final int PLACE = 2;
-        private static final int STEP = 3;
-        private static final int OTHER = 4;
-        private static final int MAP = 5;
-        private static final int ASKED = 6;
-        /** A body as a set, once for each body that can be supposed of another one. */
-        private static final long FOR_ALL = 1 | 1 << 6 | 1 << 12 | 1 << 18 | 1 << 24 | 1L << 30;
+        private static final int PATHS = 1 << 12;
+        private static final int MOST_NOTED = 1 << 8;
+        private static final int MOST_HEARD = 1 << 10;
+        /** How many are supposed at once at most, and how many ways there are to do so. */
+        private static final int MOST_SUPPOSED = 3;
+        private static final int WAYS = 32;
 
         private final Types types;
         private final Hierarchy hierarchy;
         private final Templates templates;
-        private final Instances instances;
-        private final Supposals supposals = new Supposals();
-        private boolean doesSuppose;
-        private boolean isCareful;
-        private final int[] asked = new int[MOST_OPEN * ASKED];
-        private int open;
-        /** Where it was not known to what a type leads. */
-        private int reached;
-        private int reachedStep;
+        private final Bodies bodies;
         /** The instances on a way to bases, each with the bodies that are left to go by. */
-        private final int[] way = new int[(STEPS + 1) * 2];
-        /** What was found of the one that was looked at: its bodies; for each body of the only other one, its own ones. */
-        private int template;
-        private int sure;
-        private int set;
-        private long byOther;
-        private boolean isStrict;
-        private long reasons;
-        private int looks;
-        /** On whose bodies those depend that were asked for last: its place or NONE, its bodies, and how. */
-        private int decider;
-        private int deciding;
-        private int map;
+        private final int[] way = new int[STEPS];
+        private final int[] left = new int[STEPS];
+        /** Those that can have several bodies, and these. */
+        private final int[] open = new int[MOST_NOTED];
+        private final int[] openSets = new int[MOST_NOTED];
+        private int opened;
+        private boolean doesNote;
+        /** Those whose bodies were narrowed, of which it was heard, if the length of the trail is told for which it is asked. */
+        private final int[] heard = new int[MOST_HEARD];
+        private int heardCount;
+        private int time = NONE;
+        /** What is supposed of the first ones that are open. */
+        private final int[] supposed = new int[MOST_SUPPOSED];
+        private int supposedCount;
+        private int supposedFrom;
+        private boolean isPartial;
+        private boolean isChosen;
 
-        Look(Types types, Hierarchy hierarchy, Templates templates, Instances instances) {
+        Chains(Types types, Hierarchy hierarchy, Templates templates, Bodies bodies) {
             this.types = types;
             this.hierarchy = hierarchy;
             this.templates = templates;
-            this.instances = instances;
+            this.bodies = bodies;
+        }
+
+        /** Begins to look at instances for what was known when the trail had a length, or for what is known now. */
+        void begin(int time) {
+            this.time = time;
+            heardCount = 0;
+            isPartial = false;
+            isChosen = false;
+        }
+
+        /** Begins to note which ones are open. */
+        void clearOpen() {
+            keepOpen(0);
+            supposedCount = 0;
+            doesNote = true;
+        }
+
+        /** Begins a question, for which nothing is to be noted. */
+        void beginQuestion() {
+            begin(NONE);
+            clearOpen();
+            doesNote = false;
+        }
+
+        /** Keeps the first ones of those that are open. */
+        void keepOpen(int count) {
+            while (opened > count) {
+                opened--;
+                types.nodes[open[opened]] &= ~Types.MARKED;
+            }
+        }
+
+        int opened() {
+            return opened;
+        }
+
+        int openAt(int at) {
+            return open[at];
+        }
+
+        /** Whether there were too many, so that something may be missing. */
+        boolean isPartial() {
+            return isPartial;
+        }
+
+        /** Whether it depends on a body that was chosen. */
+        boolean isChosen() {
+            return isChosen;
+        }
+
+        int heard() {
+            return heardCount;
+        }
+
+        int heardAt(int at) {
+            return heard[at];
+        }
+
+        /** Keeps the first ones of those of which it was heard, and those from a place on. */
+        void keepHeard(int count, int from) {
+            int more = heardCount - from;
+            for (int i = 0; i < more && from > count; i++) {
+                heard[count + i] = heard[from + i];
+            }
+            if (from > count) heardCount = count + more;
+        }
+
+        // ---- what types lead to
+
+        /** Whether a type leads to all these classes, which are bits, by all bodies that instances can have. */
+        int leads(int type, int classes) {
+            int found = 0;
+            int depth = 0;
+            int at = type;
+            for (int i = 0; i < PATHS; i++) {
+                int end = at == NONE ? NO : endOf(at, depth, classes);
+                if (end == OPEN) {
+                    way[depth] = at;
+                    left[depth] = noted(at, bodies.setOf(at));
+                    depth++;
+                } else {
+                    found |= 1 << end;
+                }
+                while (depth > 0 && left[depth - 1] == 0) {
+                    depth--;
+                }
+                if (depth == 0) return found == 1 << NO ? NO : found == 1 << YES ? YES : OPEN;
+                int body = left[depth - 1] & -left[depth - 1];
+                left[depth - 1] -= body;
+                at = bodies.baseAt(way[depth - 1], Bodies.code(body));
+            }
+            isPartial = true;
+            return OPEN;
+        }
+
+        /** Whether a type that was come to by some steps leads to classes; OPEN if this depends on its base. */
+        private int endOf(int type, int step, int classes) {
+            int head = (int) types.nodes[type] & Types.TOKEN;
+            if (head < Types.PARAMETER && head >= Types.CLASS) {
+                return hierarchy.leads(head - Types.CLASS, classes, step) ? YES : NO;
+            }
+            if (head < Types.SINGLE || step == STEPS) return NO;
+            int template = head >= Types.TWOFOLD ? head - Types.TWOFOLD : head - Types.SINGLE;
+            return (classes & ~templates.led(template, step)) == 0 ? OPEN : NO;
+        }
+
+        /** The bodies of an instance for what is supposed, and for the time that was told; it is noted. */
+        private int noted(int id, int now) {
+            int set = time == NONE ? now : bodies.setBefore(id, time);
+            for (int i = 0; i < supposedCount; i++) {
+                if (open[supposedFrom + i] == id) set = supposed[i];
+            }
+            if (Bodies.isChosen(types.infos[id])) isChosen = true;
+            if (time != NONE && bodies.isNarrowed(id, time)) hear(id);
+            boolean isNew = doesNote && (set & set - 1) != 0 && (types.nodes[id] & Types.MARKED) == 0;
+            if (isNew && opened == MOST_NOTED) isPartial = true;
+            else if (isNew) {
+                types.nodes[id] |= Types.MARKED;
+                open[opened] = id;
+                openSets[opened++] = set;
+            }
+            return set;
+        }
+
+        private void hear(int id) {
+            if (heardCount == MOST_HEARD) {
+                isPartial = true;
+                return;
+            }
+            heard[heardCount++] = id;
+        }
+
+        /** The steps from a type to a base if they are the same by all bodies that instances can have, or OPEN_STEPS. */
+        int stepsByAll(int type, int target) {
+            int found = OPEN_STEPS;
+            int depth = 0;
+            int at = type;
+            for (int i = 0; i < PATHS; i++) {
+                int steps = at == NONE ? NONE : stepsTo(at, target, depth);
+                if (steps == OPEN_STEPS) {
+                    way[depth] = at;
+                    left[depth] = bodies.setOf(at);
+                    depth++;
+                } else {
+                    if (found != OPEN_STEPS && found != steps) return OPEN_STEPS;
+                    found = steps;
+                }
+                while (depth > 0 && left[depth - 1] == 0) {
+                    depth--;
+                }
+                if (depth == 0) return found;
+                int body = left[depth - 1] & -left[depth - 1];
+                left[depth - 1] -= body;
+                at = bodies.baseAt(way[depth - 1], Bodies.code(body));
+            }
+            return OPEN_STEPS;
+        }
+
+        /**
+         * The steps to a target by way of a type that was come to by some steps: NONE if it is no base, SEVERAL if there are
+         * several parts of it, OPEN_STEPS if this depends on the base of the type.
+         */
+        private int stepsTo(int type, int target, int step) {
+            if (type == target) return step;
+            int head = (int) types.nodes[type] & Types.TOKEN;
+            int aim = (int) types.nodes[target] & Types.TOKEN;
+            if (head < Types.PARAMETER && head >= Types.CLASS) {
+                return hierarchy.stepsFrom(head - Types.CLASS, aim - Types.CLASS, step);
+            }
+            if (head < Types.SINGLE || step == STEPS) return NONE;
+            int template = head >= Types.TWOFOLD ? head - Types.TWOFOLD : head - Types.SINGLE;
+            boolean isClass = aim < Types.PARAMETER && aim >= Types.CLASS;
+            return isClass && (templates.led(template, step) >> aim - Types.CLASS & 1) == 0 ? NONE : OPEN_STEPS;
+        }
+
+        // ---- for what is supposed for a question
+
+        /** The code of the body of an instance; if it can have several ones, of that which is supposed. */
+        int supposedBody(int id) {
+            int set = bodies.setOf(id);
+            return Bodies.isSingle(set) ? Bodies.code(set) : bodies.suppose(id);
+        }
+
+        /** The same as stepsByAll(), for what is supposed. */
+        int stepsSupposed(int type, int target) {
+            int at = type;
+            for (int step = 0; step <= STEPS && at != NONE; step++) {
+                int steps = stepsTo(at, target, step);
+                if (steps != OPEN_STEPS) return steps;
+                int set = bodies.setOf(at);
+                at = bodies.baseAt(at, Bodies.isSingle(set) ? Bodies.code(set) : bodies.suppose(at));
+            }
+            return NONE;
+        }
+
+        /** Whether the constraints of a set hold for what is matched; something is supposed only if it matters. */
+        boolean areMet(int frame, int constraints) {
+            if (templates.fits(frame, constraints) == NO) return false;
+            for (int i = 0; i < PARAMETERS; i++) {
+                int classes = templates.wanted(constraints, i);
+                if (classes == 0) continue;
+                int type = types.bound[frame * PARAMETERS + i];
+                int leads = leads(type, classes);
+                if (leads == OPEN) leads = leadsSupposed(type, classes);
+                if (leads == NO) return false;
+            }
+            return true;
+        }
+
+        private int leadsSupposed(int type, int classes) {
+            int at = type;
+            for (int step = 0; step <= STEPS && at != NONE; step++) {
+                int end = endOf(at, step, classes);
+                if (end != OPEN) return end;
+                at = bodies.baseAt(at, supposedBody(at));
+            }
+            return NO;
+        }
+
+        // ---- supposing of those that are open, to see what follows for one that depends on them
+
+        /**
+         * Begins to suppose what those have for bodies that are open, if they are few; if they are too many, what the one
+         * has itself that depends on them. False if nothing is supposed.
+         */
+        boolean supposesFirst(int own) {
+            int ways = 1;
+            int place = NONE;
+            for (int i = 0; i < opened && i <= MOST_SUPPOSED; i++) {
+                ways *= Integer.bitCount(openSets[i]);
+            }
+            boolean areFew = opened <= MOST_SUPPOSED && ways <= WAYS;
+            for (int i = 0; i < opened && !areFew && place == NONE; i++) {
+                if (open[i] == own) place = i;
+            }
+            if (opened == 0 || !areFew && place == NONE) return false;
+            doesNote = false;
+            supposedFrom = areFew ? 0 : place;
+            supposedCount = areFew ? opened : 1;
+            for (int i = 0; i < supposedCount; i++) {
+                if (open[i + supposedFrom] == own) exchange(i + supposedFrom, supposedFrom + supposedCount - 1);
+            }
+            for (int i = 0; i < supposedCount; i++) {
+                supposed[i] = openSets[supposedFrom + i] & -openSets[supposedFrom + i];
+            }
+            return true;
+        }
+
+        /** The one itself is the last one, so that what is supposed of it changes first. */
+        private void exchange(int at, int last) {
+            int id = open[at];
+            int set = openSets[at];
+            open[at] = open[last];
+            openSets[at] = openSets[last];
+            open[last] = id;
+            openSets[last] = set;
+        }
+
+        boolean supposesNext() {
+            for (int i = supposedCount - 1; i >= 0; i--) {
+                int set = openSets[supposedFrom + i];
+                int more = set & -(supposed[i] << 1);
+                supposed[i] = more != 0 ? more & -more : set & -set;
+                if (more != 0) return true;
+            }
+            return false;
+        }
+
+        void endSupposing() {
+            supposedCount = 0;
+        }
+
+        /** Whether something is supposed of all those that are open. */
+        boolean isAllSupposed() {
+            return supposedCount == opened;
+        }
+
+        /** What is supposed of one itself, all bodies if nothing is. */
+        int supposedOf(int own) {
+            int last = supposedCount - 1;
+            return open[supposedFrom + last] == own ? supposed[last] : Bodies.ALL;
+        }
+
+        /** Whether all bodies of one itself were supposed for what is supposed of the others. */
+        boolean isLastOf(int own) {
+            int last = supposedFrom + supposedCount - 1;
+            return open[last] != own || (openSets[last] & -(supposed[supposedCount - 1] << 1)) == 0;
+        }
+
+        /** What is supposed of the only one that is open. */
+        int supposedAlone() {
+            return opened == 1 && supposedCount == 1 ? supposed[0] : 0;
+        }
+    }
+
+    /**
+     * Looks at instances: which bodies one can have for what is known of others, and on whose bodies this depends. Where
+     * few are open, each of their bodies is supposed, one after another. A look goes on step by step, as calls would stand
+     * open too deep otherwise.
+     */
+    private static final class Look {
+        /** For each body, a set of bodies. */
+        private static final long EACH_ITSELF = 1 | 1 << 7 | 1 << 14 | 1 << 21 | 1 << 28 | 1L << 35;
+        /** How long a line is along which a look goes at most; one in so many of it is kept. */
+        private static final int LINE = 1 << 12;
+        private static final int KEPT = 1 << 8;
+
+        private final Types types;
+        private final Templates templates;
+        private final Bodies bodies;
+        private final Chains chains;
+        private int looks;
+        /** The one that is looked at, and the one on the line from it at which the look is. */
+        private int own;
+        private int at;
+        private int line;
+        private int time;
+        private boolean isWhole;
+        private boolean isDense;
+        private boolean isBusy;
+        private boolean isFresh;
+        /** The next specialisation, those that fit and may fit, how often something was supposed. */
+        private int template;
+        private int next;
+        private int sure;
+        private int maybe;
+        private int run;
+        private int heardBefore;
+        /** Whether there is no body for something that was supposed of others; the bodies that are found for that. */
+        private boolean isStrict;
+        private int group;
+        /** The bodies that were found; for those of the only one that is open; and by way of the line. */
+        private int set;
+        private int least;
+        private long byOpen;
+        private long byLine;
+
+        Look(Types types, Templates templates, Bodies bodies, Chains chains) {
+            this.types = types;
+            this.templates = templates;
+            this.bodies = bodies;
+            this.chains = chains;
         }
 
         /** How often was looked since it is counted. */
@@ -2240,1435 +2718,1082 @@ public final class Overloadery {
             looks = 0;
         }
 
+        /** Whether long lines are gone along, as there is no room for all that is on them. */
+        boolean isDense() {
+            return isDense;
+        }
+
+        void setDense(boolean isDense) {
+            this.isDense = isDense;
+        }
+
         /** The bodies that the one that was looked at can have. */
         int set() {
             return set;
         }
 
-        long reasons() {
-            return reasons;
+        /** The body that it has if nothing holds that is open. */
+        int least() {
+            return least;
         }
 
-        /** Whether too much had to be supposed, so that something may be missing. */
-        boolean isOver() {
-            return supposals.isOver();
-        }
-
-        /** Whether the one that was looked at has no body for something that was supposed of others. */
         boolean isStrict() {
-            return isStrict && supposals.count() > 1 && !supposals.isOver();
+            return isStrict;
         }
 
-        /** Those for whom something was supposed; the first one is that which was looked at. */
-        Supposals supposals() {
-            return supposals;
+        boolean isBusy() {
+            return isBusy;
         }
 
-        /** The body that the one that was looked at has if no open constraint holds. */
-        int leastBody() {
-            return templates.possible(template, sure, 0);
-        }
-
-        /** How the one that was looked at follows from the only other one, as a map; NONE if it does not. */
-        int mapFromOther() {
-            if (supposals.count() != 2 || supposals.isOver()) return NONE;
-            int map = 0;
-            for (int i = 0; i < Instances.BODIES; i++) {
-                int own = (int) (byOther >> i * Instances.BODIES) & Instances.ALL;
-                boolean isThere = (supposals.set(1) >> i & 1) == 1;
-                if (isThere && (own == 0 || !Instances.isSingle(own))) return NONE;
-                map |= (isThere ? Instances.code(own) : Instances.NOWHERE) << i * 3;
-            }
-            return map;
-        }
-
-        /** Begins a question about several instances; a careful one supposes nothing where it does not matter. */
-        void begin(boolean isCareful) {
-            templates.findEnds();
-            aim(NONE, NONE, NONE, NONE);
-            supposals.clear(1);
-            doesSuppose = true;
-            this.isCareful = isCareful;
-        }
-
-        boolean advances() {
-            return supposals.advances();
-        }
-
-        void aim(long one, long two, long three, int id) {
-            supposals.putFirst(one, two, three, id);
-        }
-
-        void aimAt(int id) {
-            aim(instances.word(id, 0), instances.word(id, 1), instances.word(id, 2), id);
-        }
-
-        /** Aims at the only other one for whom something was supposed. */
-        void aimAtOther() {
-            aim(supposals.word(1, 0), supposals.word(1, 1), supposals.word(1, 2), supposals.id(1));
-        }
-
-        /** Looks at the one at which it is aimed; once more with care if too much is to be supposed. */
-        void look() {
+        /**
+         * Begins to look at an instance, for what was known when the trail had a length, or NONE for now; a whole look hears
+         * of all that it depends on, another one of that from which follows what is found.
+         */
+        void begin(int id, int time, boolean isWhole) {
             looks++;
-            types.unpack(supposals.word(0, 0), supposals.word(0, 1), supposals.word(0, 2), Types.OWN);
-            int own = Types.OWN * Types.WIDTH;
-            template = Types.templateOf(types.tokens[own]);
-            instances.clearMet();
-            supposals.setOver();
-            for (int turn = 0; turn < 2 && supposals.isOver(); turn++) {
-                supposals.clear(1);
-                reasons = 0;
-                isCareful = turn > 0;
-                doesSuppose = false;
-                isStrict = false;
-                open = 0;
-                sure = 0;
-                int maybe = 0;
-                int rest = (1 << templates.specialisations(template)) - 1;
-                set = templates.possible(template, sure, rest);
-                for (int i = 0; i < templates.specialisations(template) && !Instances.isSingle(set); i++) {
-                    rest &= ~(1 << i);
-                    int fits = fitsOwn(i, own);
-                    if (fits == YES) sure |= 1 << i;
-                    if (fits == OPEN) maybe |= 1 << i;
-                    set = templates.possible(template, sure, maybe | rest);
-                }
-                if (!Instances.isSingle(set)) suppose(maybe);
-            }
+            own = id;
+            at = id;
+            line = 0;
+            byLine = EACH_ITSELF;
+            isBusy = true;
+            isFresh = true;
+            this.time = time;
+            this.isWhole = isWhole;
         }
 
-        /** Whether a specialisation fits the one that is looked at, for what is known; what is open is noted. */
-        private int fitsOwn(int specialisation, int own) {
+        private void beginAt() {
+            if (line == 0) chains.begin(time);
+            isFresh = false;
+            template = Types.templateOf(types.headOf(at));
+            heardBefore = chains.heard();
+            run = 0;
+            byOpen = 0;
+            chains.clearOpen();
+            beginRun();
+        }
+
+        private void beginRun() {
+            next = 0;
+            sure = 0;
+            maybe = 0;
+        }
+
+        /** Goes on by a step. */
+        void goOn() {
+            if (isFresh) beginAt();
+            int rest = (1 << templates.specialisations(template)) - (1 << next);
+            int possible = templates.possible(template, sure, maybe | rest);
+            if (rest == 0 || Bodies.isSingle(possible)) {
+                endRun(possible);
+                return;
+            }
+            int specialisation = next++;
             int pattern = templates.pattern(template, specialisation, 0);
             int second = templates.pattern(template, specialisation, 1);
             types.empty(Types.FITTING);
-            if (!types.matches(Types.FITTING, pattern, second, own + 1)) return NO;
+            if (!types.matches(Types.FITTING, pattern, second, types.first(at), types.second(at))) return;
             int constraints = Templates.place(template, specialisation);
             int fits = templates.fits(Types.FITTING, constraints);
-            if (fits != OPEN) return fits;
-            int before = open;
-            int countBefore = supposals.count();
-            for (int i = 0; i < PARAMETERS; i++) {
+            int open = chains.opened();
+            int heard = chains.heard();
+            boolean isOpen = fits == Chains.OPEN;
+            if (isOpen) fits = Chains.YES;
+            for (int i = 0; i < PARAMETERS && isOpen && fits != Chains.NO; i++) {
                 int classes = templates.wanted(constraints, i);
                 if (classes == 0) continue;
-                int place = types.bound[Types.FITTING * PARAMETERS + i];
-                int leads = isCareful ? byAll(place, classes, NONE) : leads(place, 0, classes);
-                if (leads == NO) {
-                    open = before;
-                    supposals.drop(countBefore);
-                    return NO;
+                int heardAhead = chains.heard();
+                int leads = chains.leads(types.bound[Types.FITTING * PARAMETERS + i], classes);
+                if (leads != Chains.YES) fits = leads;
+                if (leads == Chains.NO && !isWhole) chains.keepHeard(heard, heardAhead);
+            }
+            if (fits == Chains.YES) sure |= 1 << specialisation;
+            if (fits == Chains.OPEN) maybe |= 1 << specialisation;
+            if (fits == Chains.OPEN && !isWhole) chains.keepHeard(heard, chains.heard());
+            if (fits == Chains.NO && run == 0) chains.keepOpen(open);
+        }
+
+        /** Ends with what is supposed now; goes on to suppose something else, or along the line, or ends. */
+        private void endRun(int possible) {
+            if (run == 0) {
+                set = possible;
+                group = 0;
+                isStrict = false;
+                if (at == own) least = templates.possible(template, sure, 0);
+                int heard = chains.heard();
+                if (!Bodies.isSingle(possible) && chains.supposesFirst(at)) {
+                    if (!isWhole) chains.keepHeard(heardBefore, heard);
+                    set = 0;
+                    isStrict = !chains.isAllSupposed();
+                    run++;
+                    beginRun();
+                    return;
                 }
-                if (leads == OPEN && isCareful) leads(place, 0, classes);
-                if (leads == OPEN) noteOpen(specialisation, classes);
+            } else {
+                int found = possible & chains.supposedOf(at);
+                set |= found;
+                group |= found;
+                if (chains.isLastOf(at)) {
+                    if (group == 0) isStrict = true;
+                    group = 0;
+                }
+                int other = chains.supposedAlone();
+                if (other != 0) byOpen |= (long) found << Bodies.code(other) * Bodies.CODES;
+                if (chains.supposesNext()) {
+                    beginRun();
+                    return;
+                }
             }
-            return open == before ? YES : OPEN;
+            chains.endSupposing();
+            if (isDense && goesAlong()) return;
+            // The line ends where nothing goes: that one is not sure.
+            if (set == 0 && at != own) set = 1 << Bodies.UNSURE;
+            set = image(byLine, set);
+            isBusy = false;
         }
 
-        private void noteOpen(int specialisation, int classes) {
-            int row = open * ASKED;
-            asked[row] = specialisation;
-            asked[row + CLASSES] = classes;
-            asked[row + STEP] = reachedStep;
-            asked[row + OTHER] = placeOfDecider();
-            asked[row + MAP] = map;
-            asked[row + PLACE] = reached;
-            if (reachedStep > 0) {
-                // What is asked next writes its bases to the same rows.
-                types.copyRow(reached, Types.OPENED + open);
-                asked[row + PLACE] = (Types.OPENED + open) * Types.WIDTH;
+        /** Goes on along the line if just one is open, and it is none of those that are kept. */
+        private boolean goesAlong() {
+            if (Bodies.isSingle(set) || byOpen == 0 || chains.opened() != 1 || line == LINE) return false;
+            int other = chains.openAt(0);
+            if (other == at || other == own || bodies.is(other, Bodies.MEMBER | Bodies.GOAL)) return false;
+            if ((types.mixed(other) & KEPT - 1) == 0 || !types.hasSome()) return false;
+            long all = 0;
+            for (int i = 0; i < Bodies.CODES; i++) {
+                int set = (int) (byOpen >> i * Bodies.CODES) & Bodies.ALL;
+                all |= (long) image(byLine, set) << i * Bodies.CODES;
             }
-            open++;
+            byLine = all;
+            at = other;
+            line++;
+            looks++;
+            isFresh = true;
+            return true;
         }
 
-        /** Finds the bodies by supposing, one after another, all bodies of those on which they depend. */
-        private void suppose(int maybe) {
-            doesSuppose = true;
-            byOther = 0;
+        /** The bodies that go with one of a set. */
+        private static int image(long byBody, int set) {
             int all = 0;
-            boolean goesOn = true;
-            for (int run = 0; run < RUNS && goesOn; run++) {
-                int fitting = sure;
-                int rest = maybe;
-                int possible = Instances.ALL;
-                boolean holds = true;
-                for (int i = 0; i < open && !Instances.isSingle(possible); i++) {
-                    int row = i * ASKED;
-                    if (holds) {
-                        int body = Instances.mapped(asked[row + MAP], supposals.bodyOf(asked[row + OTHER]));
-                        int at = baseAt(asked[row + PLACE], body, Types.CHAIN + asked[row + STEP]);
-                        holds = at != NONE && leads(at, asked[row + STEP] + 1, asked[row + CLASSES]) == YES;
-                    }
-                    if (i + 1 < open && asked[row + ASKED] == asked[row]) continue;
-                    rest &= ~(1 << asked[row]);
-                    if (holds) fitting |= 1 << asked[row];
-                    possible = templates.possible(template, fitting, rest);
-                    holds = true;
-                }
-                int own = supposals.body(0);
-                if (own == NONE || (possible >> own & 1) == 1) {
-                    all |= possible;
-                    noteByOther(possible);
-                } else {
-                    isStrict = true;
-                }
-                goesOn = supposals.advances();
+            for (int i = 0; i < Bodies.CODES; i++) {
+                if ((set >> i & 1) == 1) all |= (int) (byBody >> i * Bodies.CODES) & Bodies.ALL;
             }
-            if (goesOn) supposals.setOver();
-            if (!supposals.isOver()) set = all;
+            return all;
+        }
+    }
+
+    /**
+     * Finds what follows for the bodies of instances: goes from those that are asked for to those on whose bodies they
+     * depend, now to those that were come to first, now to those that were come to last; and whenever something is found,
+     * looks again at those who depend on it.
+     */
+    private static final class Explorer {
+        private static final int MOST = 1 << 28;
+        /** How many are taken from one end, and then from the other one. */
+        private static final int TURN = 32;
+        private static final int MOST_WOKEN = 1 << 8;
+
+        private static final int FEW = 1 << 6;
+        private static final int MORE = 4;
+        private static final int MOST_CHANGED = 1 << 17;
+        /** How often what was chosen is forgotten for a question. */
+        private static final int MOST_REVOKED = 1 << 4;
+        private static final int MOST_SHORTS = 4;
+
+        private final Types types;
+        private final Templates templates;
+        private final Bodies bodies;
+        private final Chains chains;
+        private final Look look;
+        private final Frontier frontier;
+        /** The frontier of the walk, which takes over new ids with this one. */
+        private final Frontier walked;
+        /** The one that is looked at, and the one of which those are looked at that depend on it. */
+        private int looked = NONE;
+        private int source = NONE;
+        private int edge;
+        private int[] changed = new int[FEW];
+        private int changedCount;
+        private int taken;
+        private boolean hasSkipped;
+        /** Whether there is no room for types, or for who depends on whom. */
+        private boolean isFull;
+        private boolean isLong;
+        /** Whether all goals are to be put anew. */
+        private boolean isAnew;
+        private int changes = NONE;
+        private int revoked;
+        /** The goals whose bodies became fewer, as far as there is room. */
+        private final int[] woken = new int[MOST_WOKEN];
+        private int wokenCount;
+
+        Explorer(Types types, Templates templates, Bodies bodies, Chains chains, Look look, Frontier walked) {
+            this.types = types;
+            this.templates = templates;
+            this.bodies = bodies;
+            this.chains = chains;
+            this.look = look;
+            this.walked = walked;
+            frontier = new Frontier(types);
         }
 
-        /** Notes which body follows from what is supposed of the only other one. */
-        private void noteByOther(int possible) {
-            int other = supposals.count() > 1 ? supposals.body(1) : NONE;
-            byOther |= other == NONE ? FOR_ALL * possible : (long) possible << other * Instances.BODIES;
-        }
-
-        /**
-         * Whether a type that was come to by some steps leads to all these classes, which are bits; OPEN if it is not known
-         * and nothing is supposed.
-         */
-        int leads(int type, int steps, int classes) {
-            int at = type;
-            for (int step = steps; step <= STEPS; step++) {
-                int head = types.tokens[at];
-                if (Types.isClass(head)) return hierarchy.leads(head - Types.CLASS, classes, step) ? YES : NO;
-                if (!Types.isInstance(head) || step == STEPS) return NO;
-                if ((classes & ~templates.led(Types.templateOf(head), step)) != 0) return NO;
-                int bodies = setAt(at);
-                if (!Instances.isSingle(bodies) && !doesSuppose) {
-                    reached = at;
-                    reachedStep = step;
-                    return OPEN;
-                }
-                boolean isKnown = Instances.isSingle(bodies);
-                int body = isKnown ? Instances.code(bodies) : supposals.bodyOf(placeOfDecider());
-                if (!isKnown) body = Instances.mapped(map, body);
-                at = baseAt(at, body, Types.CHAIN + step);
-                if (at == NONE) return NO;
+        /** Begins a question. What is known stays known as long as no template or class was changed. */
+        void begin() {
+            chains.beginQuestion();
+            templates.findEnds();
+            if (templates.changes() != changes || types.isHalfFull()) {
+                changes = templates.changes();
+                types.forget();
+                bodies.forget();
+            } else if (bodies.hasSettled()) {
+                bodies.forgetChosen();
             }
-            return NO;
+            look.setDense(false);
+            look.count();
+            startAnew();
+            isAnew = false;
+            bodies.clearGoals();
+            types.tellIds();
+            revoked = 0;
         }
 
-        /**
-         * The steps from a type to a base, 0 to itself; NONE if it is no base, SEVERAL if there are several parts. For that
-         * something is supposed.
-         */
-        int steps(int type, int target) {
-            int all = isCareful ? byAll(type, 0, target) : OPEN_STEPS;
-            if (all != OPEN_STEPS) return all;
-            int at = type;
-            int aim = types.tokens[target];
-            for (int step = 0; step <= STEPS && at != NONE; step++) {
-                if (types.isSame(at, target)) return step;
-                int head = types.tokens[at];
-                if (Types.isClass(head)) return hierarchy.stepsFrom(head - Types.CLASS, aim - Types.CLASS, step);
-                if (!Types.isInstance(head) || step == STEPS) return NONE;
-                boolean mayLead = !Types.isClass(aim)
-                        || (templates.led(Types.templateOf(head), step) >> aim - Types.CLASS & 1) == 1;
-                if (!mayLead) return NONE;
-                at = baseAt(at, supposedOf(setAt(at)), Types.CHAIN + step);
+        private void startAnew() {
+            bodies.forgetEdges();
+            frontier.clear();
+            hasSkipped = false;
+            isFull = false;
+            isLong = false;
+            looked = NONE;
+            source = NONE;
+            changedCount = 0;
+            wokenCount = 0;
+        }
+
+        /** Whether there is nothing to go on with. */
+        boolean isIdle() {
+            return !isFull && !isAnew && frontier.count() == 0 && !hasSkipped && source == NONE && changedCount == 0;
+        }
+
+        /** Whether there is something to go on with, and room. */
+        boolean canGoOn() {
+            return !isFull && !isIdle();
+        }
+
+        /** How often what was chosen was forgotten, as it did not go with what was found later. */
+        int revoked() {
+            return revoked;
+        }
+
+        /** Lets it be tried again whether there is room. */
+        void retry() {
+            isFull = false;
+        }
+
+        int woken() {
+            return wokenCount;
+        }
+
+        int wokenAt(int at) {
+            return woken[at];
+        }
+
+        void clearWoken() {
+            wokenCount = 0;
+        }
+
+        /** Puts an instance whose body is asked for. */
+        void put(int id) {
+            if (bodies.is(id, Bodies.MEMBER) || !bodies.isOpen(id)) return;
+            bodies.mark(id, Bodies.MEMBER);
+            if (!frontier.puts(id)) hasSkipped = true;
+        }
+
+        /** Puts all goals, and forgets who was found to depend on whom. */
+        void putAnew() {
+            startAnew();
+            isAnew = false;
+            for (int id = Types.POINTER; id < types.count; id++) {
+                if (bodies.is(id, Bodies.GOAL)) put(id);
+            }
+        }
+
+        void putGoals() {
+            for (int i = 0; i < bodies.goals(); i++) {
+                put(bodies.goal(i));
+            }
+        }
+
+        /** Puts the instances that have numbers, or else the first one of their bases whose body is open. */
+        void putNumbered() {
+            for (int i = 0; i < types.numbered(); i++) {
+                int at = Types.isInstance(types.head(i)) ? types.id(i) : NONE;
+                for (int step = 0; step < Chains.STEPS && at != NONE; step++) {
+                    boolean isInstance = Types.isInstance(types.headOf(at));
+                    if (isInstance) put(at);
+                    int set = isInstance ? bodies.setOf(at) : 0;
+                    at = set != 0 && Bodies.isSingle(set) ? bodies.baseAt(at, Bodies.code(set)) : NONE;
+                }
+            }
+        }
+
+        /** What was chosen does not go with what was found: it is forgotten, and all begins anew. */
+        boolean revokes() {
+            if (!bodies.hasChosen() || revoked == MOST_REVOKED) return false;
+            revoked++;
+            bodies.forgetChosen();
+            isAnew = true;
+            return true;
+        }
+
+        // ---- going on
+
+        /** Goes on, and looks so often at instances at most, but for those who depend on what was found. */
+        void run(int limit) {
+            int last = look.looks() + limit;
+            int shorts = 0;
+            for (int i = 0; i < MOST && !isFull; i++) {
+                if (look.isBusy()) {
+                    look.goOn();
+                    continue;
+                }
+                boolean isShort = looked != NONE && types.isShort();
+                if (looked != NONE && !isShort) {
+                    int id = looked;
+                    looked = NONE;
+                    if (takes(id)) expand(id);
+                    shorts = 0;
+                    continue;
+                }
+                if (isShort) shorts++;
+                boolean isStillLong = isLong && look.isDense();
+                if (!makeRoom() || shorts > MOST_SHORTS || isStillLong) isFull = true;
+                if (isLong) look.setDense(true);
+                if (isAnew || isLong && !isFull) putAnew();
+                if (looked < Types.POINTER) looked = next(last);
+                if (looked == NONE) return;
+                look.begin(looked, NONE, false);
+            }
+            if (isFull) looked = NONE;
+        }
+
+        /** The next one to look at, NONE if there is none. */
+        private int next(int last) {
+            for (int i = 0; i < MOST && (source != NONE || changedCount > 0); i++) {
+                int id = nextDependent();
+                if (id >= Types.POINTER && bodies.isOpen(id)) return id;
+            }
+            if (look.looks() >= last) return NONE;
+            for (int i = 0; i < MOST && !(frontier.count() == 0 && !hasSkipped); i++) {
+                if (frontier.count() == 0) putSkipped();
+                int id = frontier.takes(taken++ / TURN % 2 == 0 ? Frontier.LAST : Frontier.FIRST);
+                if (id >= Types.POINTER && !bodies.is(id, Bodies.EXPANDED) && bodies.isOpen(id)) return id;
             }
             return NONE;
         }
 
-        /** Whether the constraints of a set hold for what is matched; for that something is supposed. */
-        boolean areMet(int frame, int constraints) {
-            if (templates.fits(frame, constraints) == NO) return false;
-            for (int i = 0; i < PARAMETERS; i++) {
-                int classes = templates.wanted(constraints, i);
-                int place = types.bound[frame * PARAMETERS + i];
-                if (classes == 0) continue;
-                int leads = isCareful ? byAll(place, classes, NONE) : OPEN;
-                if (leads == OPEN) leads = leads(place, 0, classes);
-                if (leads != YES) return false;
+        /** The next one of those who depend on one that was changed; NONE if there is none for this one. */
+        private int nextDependent() {
+            if (source == NONE) {
+                source = changed[--changedCount];
+                bodies.unmark(source, Bodies.CHANGED);
+                edge = bodies.firstEdge(source);
             }
-            return true;
+            boolean isDecided = bodies.isDecided(source);
+            int at = isDecided ? bodies.firstEdge(source) : edge;
+            if (at == 0) {
+                source = NONE;
+                return NONE;
+            }
+            edge = bodies.nextEdge(at);
+            if (isDecided) bodies.dropEdge(source);
+            return bodies.target(at);
         }
 
-        /**
-         * Whether a type leads to some classes, or how many steps there are to a target, if it is the same by all bases that
-         * instances may have; otherwise OPEN, or OPEN_STEPS.
-         */
-        private int byAll(int type, int classes, int target) {
-            int open = target == NONE ? OPEN : OPEN_STEPS;
-            int found = open;
-            int step = 0;
-            way[0] = type;
-            way[1] = Types.isInstance(types.tokens[type]) ? setAt(type) : 0;
-            if (way[1] == 0 || target != NONE && types.isSame(type, target)) return open;
-            for (int i = 0; i < PATHS && step >= 0; i++) {
-                int left = way[step * 2 + 1];
-                if (left == 0) {
-                    step--;
-                    continue;
+        /** Puts those for which there was no room. */
+        private void putSkipped() {
+            hasSkipped = false;
+            for (int id = Types.POINTER; id < types.count && !hasSkipped; id++) {
+                boolean isLeft = bodies.is(id, Bodies.MEMBER) && !bodies.is(id, Bodies.EXPANDED);
+                if (isLeft && bodies.isOpen(id) && !frontier.puts(id)) hasSkipped = true;
+            }
+        }
+
+        /** Takes over what was found for an instance, and tells whether it is still open. */
+        private boolean takes(int id) {
+            int before = bodies.setOf(id);
+            int set = before & look.set();
+            if (set == 0) {
+                if (revokes()) return false;
+                // No body goes with what is known: it is not sure.
+                bodies.settle(id, 1 << Bodies.UNSURE);
+            } else if (set != before) {
+                bodies.learn(id, look.set(), !chains.isChosen());
+            }
+            if (look.isStrict() || (look.set() & ~set) != 0) bodies.mark(id, Bodies.STRICT);
+            else if (!chains.isChosen() || set == 0) bodies.unmark(id, Bodies.STRICT);
+            boolean isOpen = set != 0 && bodies.isOpen(id);
+            if (!isOpen) bodies.unmark(id, Bodies.MEMBER | Bodies.EXPANDED);
+            if (set != before) change(id);
+            return isOpen;
+        }
+
+        private void change(int id) {
+            if (bodies.is(id, Bodies.WAITING) && wokenCount < MOST_WOKEN) woken[wokenCount++] = id;
+            if (bodies.is(id, Bodies.CHANGED) || bodies.firstEdge(id) == 0) return;
+            if (changedCount == changed.length) {
+                if (changedCount == MOST_CHANGED) {
+                    isFull = true;
+                    return;
                 }
-                way[step * 2 + 1] = left & left - 1;
-                int base = baseAt(way[step * 2], Instances.code(left), Types.CHAIN + step);
-                boolean isInstance = base != NONE && Types.isInstance(types.tokens[base]) && step + 1 < STEPS;
-                boolean isThere = base != NONE && target != NONE && types.isSame(base, target);
-                if (isInstance && !isThere) {
-                    step++;
-                    way[step * 2] = base;
-                    way[step * 2 + 1] = setAt(base);
-                    continue;
-                }
-                int leads = base == NONE ? target == NONE ? NO : NONE : endOf(base, step + 1, classes, target);
-                if (found != open && leads != found) return open;
-                found = leads;
+                changed = Arrays.copyOf(changed, Math.min(MOST_CHANGED, changedCount << MORE));
             }
-            return step < 0 ? found : open;
+            bodies.mark(id, Bodies.CHANGED);
+            changed[changedCount++] = id;
         }
 
-        private int endOf(int type, int step, int classes, int target) {
-            int head = types.tokens[type];
-            if (target != NONE) {
-                if (types.isSame(type, target)) return step;
-                int base = types.tokens[target] - Types.CLASS;
-                return Types.isClass(head) ? hierarchy.stepsFrom(head - Types.CLASS, base, step) : NONE;
+        /** Puts those on which an instance depends. One that was put already depends on no others than before. */
+        private void expand(int id) {
+            boolean isNew = !bodies.is(id, Bodies.EXPANDED);
+            bodies.mark(id, Bodies.MEMBER | Bodies.EXPANDED);
+            int count = chains.opened();
+            for (int i = 0; i < count; i++) {
+                int other = chains.openAt(taken / TURN % 4 < 2 ? i : count - 1 - i);
+                boolean isKnown = !isNew && bodies.is(other, Bodies.MEMBER);
+                if (!isKnown && !bodies.links(id, other)) isLong = true;
+                put(other);
             }
-            return Types.isClass(head) && hierarchy.leads(head - Types.CLASS, classes, step) ? YES : NO;
         }
 
-        /** The bodies that an instance at a place can have, for what is known. */
-        int setAt(int place) {
-            int template = Types.templateOf(types.tokens[place]);
-            int sure = 0;
-            int maybe = 0;
-            for (int i = 0; i < templates.specialisations(template); i++) {
-                int second = templates.pattern(template, i, 1);
-                types.empty(Types.PART);
-                if (!types.matches(Types.PART, templates.pattern(template, i, 0), second, place + 1)) continue;
-                int fits = templates.fits(Types.PART, Templates.place(template, i));
-                if (fits == YES) sure |= 1 << i;
-                if (fits == OPEN) maybe |= 1 << i;
+        // ---- room
+
+        /** Makes room for types, and tells whether there is enough to go on. */
+        boolean makeRoom() {
+            if (types.makeRoom()) return true;
+            chains.clearOpen();
+            shed(Bodies.FACT);
+            if (types.isCrowded()) shed(0);
+            if (types.isCrowded() && !look.isDense()) {
+                // Long lines take less room from now on.
+                look.setDense(true);
+                startAnew();
+                isAnew = true;
+                shed(0);
             }
-            int all = templates.possible(template, sure, maybe);
-            decider = NONE;
-            map = Instances.SAME;
-            deciding = all;
-            if (Instances.isSingle(all)) return all;
-            types.pack(place);
-            long mixed = Instances.mixed(types.first, types.second, types.third);
-            int id = instances.find(types.first, types.second, types.third, mixed);
-            if (id == NONE) return all;
-            decider = instances.follow(id);
-            map = instances.map();
-            reasons |= instances.reasons(decider);
-            deciding = instances.set(decider);
-            if (decider != id) deciding &= Instances.origin(map, Instances.ALL);
-            else if (!instances.isSettled(id)) deciding &= all;
-            return Instances.image(map, deciding);
+            types.makeRoom();
+            return !types.isCrowded();
         }
 
-        /** On whose body that depends which was asked for last; NONE if it is not among the instances. */
-        int decider() {
-            return decider;
-        }
-
-        int deciding() {
-            return deciding;
-        }
-
-        /** The body of the instance whose bodies were asked for last: the only one, or that which is supposed. */
-        int supposedOf(int bodies) {
-            if (Instances.isSingle(bodies)) return Instances.code(bodies);
-            return Instances.mapped(map, supposals.bodyOf(placeOfDecider()));
-        }
-
-        /** The place among those for whom something is supposed of that on whose bodies those depend which were asked for. */
-        private int placeOfDecider() {
-            boolean isKept = decider != NONE;
-            long one = isKept ? instances.word(decider, 0) : types.first;
-            long two = isKept ? instances.word(decider, 1) : types.second;
-            long three = isKept ? instances.word(decider, 2) : types.third;
-            int before = supposals.count();
-            int place = supposals.place(one, two, three, decider, deciding);
-            if (place == before) supposals.putAsked(place, types.first, types.second, types.third);
-            return place;
-        }
-
-        /** The base of an instance with a body, written into a row; NONE if it has none. */
-        int baseAt(int place, int body, int row) {
-            int template = Types.templateOf(types.tokens[place]);
-            boolean isItself = body == Instances.ITSELF;
-            int told = body >= Instances.UNSURE ? NONE : templates.base(template, isItself ? Templates.ITSELF : body);
-            if (told == NONE) return NONE;
-            types.empty(Types.OF_BASE);
-            if (isItself) {
-                boolean isTwofold = types.tokens[place] >= Types.TWOFOLD;
-                types.bound[Types.OF_BASE * PARAMETERS] = place + 1;
-                types.bound[Types.OF_BASE * PARAMETERS + 1] = isTwofold ? types.ends[place + 1] : NONE;
-            } else {
-                int second = templates.pattern(template, body, 1);
-                int pattern = templates.pattern(template, body, 0);
-                if (!types.matches(Types.OF_BASE, pattern, second, place + 1)) return NONE;
+        private void shed(long notes) {
+            long needed = Bodies.MEMBER | Bodies.GOAL | Bodies.WAITING | Bodies.CHANGED;
+            types.shed(Types.NOTED | Types.PENDING, needed | notes);
+            bodies.moveIds();
+            frontier.moveIds();
+            walked.moveIds();
+            looked = looked == NONE ? NONE : types.moved(looked);
+            source = source == NONE ? NONE : types.moved(source);
+            for (int i = 0; i < changedCount; i++) {
+                changed[i] = types.moved(changed[i]);
             }
-            return types.builds(Types.OF_BASE, told, row) ? row * Types.WIDTH : NONE;
-        }
-
-        /** What is asked of an instance, or of two types, for what is supposed; a base by what tells it apart. */
-        long outcome(int kind, int type, int other) {
-            int place = type * Types.WIDTH;
-            if (kind == DISTANCE) return steps(place, other * Types.WIDTH);
-            int body = supposedOf(setAt(place));
-            if (kind == BODY) return body;
-            int base = baseAt(place, body, Types.OTHER);
-            if (base == NONE) return NOTHING;
-            types.pack(base);
-            return Instances.mixed(types.first, types.second, types.third) >>> 1;
+            for (int i = 0; i < wokenCount; i++) {
+                woken[i] = types.moved(woken[i]);
+            }
+            types.remember();
         }
     }
 
     /**
-     * Finds the bodies of instances. It goes from one to those on which its body depends, and finds these first; those that
-     * ask for one another are told apart as they are left, and given to Ways. As it may be very far to what decides, it goes
-     * only so far at a level: on from the first one that is open, then near by, then on from the last one.
+     * What does not go together: a nogood tells of some instances that not all of them have one of some bodies. Besides, the
+     * literals by which a clash is led back to guesses: each is an instance with the bodies to which it was narrowed.
      */
-    private static final class Descent {
-        static final int LEVELS = 6;
-        private static final int LOOKS = 1 << 8;
-        private static final int FARTHER = 3;
-        /** How far it goes forward at last. */
-        private static final int MOST_LOOKS = 1 << 25;
-
-        /** What is done next; the first ones begin with a look. */
-        private static final int DESCEND = 0;
-        private static final int RUN_ON = 1;
-        private static final int HOLD = 2;
-        private static final int GATHER = 3;
-        private static final int TRY = 4;
-        private static final int GO_ON = 5;
-        private static final int END_WALK = 6;
-        private static final int START_GATHERING = 7;
-        private static final int GATHER_ON = 8;
-        private static final int END_GATHERING = 9;
-        private static final int START_TRY = 10;
-        private static final int END_TRY = 11;
-        private static final int ASSUME = 12;
-        private static final int DONE = 13;
-
-        /** What is done at a level, one after another. */
-        private static final int FORWARD = 0;
-        private static final int NEAR = 1;
-        private static final int WITHIN = 2;
-        private static final int ALL = 3;
-        private static final int NARROW = 4;
-        private static final int WIDE = 5;
-        private static final int BACKWARD = 6;
-        private static final int WIDEST = 7;
-        private static final int WIDER = 8;
-        private static final int FIRST = 9;
-        private static final int ALONE = 10;
-        private static final int FIRST_ALONE = 11;
-
-        /**
-         * What is assumed of one of a circle that is too large: where it is on the path, how many were left in circles ahead
-         * of it, when it was come to; its bodies, those that are left to assume, that which is assumed, and those that go.
-         */
-        private static final int HEIGHT = 0;
-        private static final int STACKED = 1;
-        private static final int TIME = 2;
-        private static final int BODIES = 3;
-        private static final int LEFT = 4;
-        private static final int ASSUMED = 5;
-        private static final int GOING = 6;
-        private static final int ROW = 7;
-        private static final int MOST_ASSUMED = 12;
-
-        /** Where there are more instances than these, only some of a long line of them are kept. */
-        private static final int DENSE = Instances.MOST / 4;
-        private static final int RUN = 64;
-        private static final int MOST_NEAR = 1 << 17;
-        private static final int MOST_TRIED = 1 << 21;
+    private static final class Nogoods {
+        private static final int MOST = 1 << 12;
+        private static final int MOST_WORDS = 1 << 16;
+        private static final int MOST_LITERALS = 1 << 17;
         private static final int FEW = 1 << 6;
         private static final int MORE = 5;
-        private static final int MOST = 1 << 28;
+        private static final int SET_AT = 21;
 
         private final Types types;
-        private final Instances instances;
-        private final Look look;
-        private final Ways ways;
-        private int phase;
-        private int plan;
-        private int goal;
-        private int level;
-        private int limit;
-        /** The walk that goes on, and the one that gathered those within which it is to stay. */
-        private int walk;
-        private int gathering;
-        private int time;
-        /** From the first place on, those from whom it goes on, or those gathered; from the last one, those left in circles. */
-        private int[] path = new int[FEW];
-        private int height;
-        private int stacked;
-        /** How many of the path were looked at in their turn. */
-        private int seen;
-        /** Whether something was left out, there was a choice where to go on, and nothing more can be shed. */
-        private boolean isCut;
-        private boolean isForked;
-        private boolean isPacked;
-        /** How many in a line were not kept, and what follows for the last one that was kept. */
-        private int run;
-        private int runMap;
-        private final int[] assumed = new int[MOST_ASSUMED * ROW];
-        private int depth;
+        private final Bodies bodies;
+        /** Who is among the literals; their bodies are noted with the types. */
+        private int[] literals = new int[FEW];
+        private int count;
+        private boolean isOver;
+        /** The level of the last of the literals, and how many are of that. */
+        private int top;
+        private int atTop;
+        /** Where each nogood begins, the one behind them too; and their instances with their bodies. */
+        private int[] starts = new int[FEW];
+        private long[] words = new long[FEW];
+        private int nogoods;
 
-        Descent(Types types, Instances instances, Look look) {
+        Nogoods(Types types, Bodies bodies) {
             this.types = types;
-            this.instances = instances;
-            this.look = look;
-            ways = new Ways(types, instances, look);
+            this.bodies = bodies;
         }
 
-        int looks() {
-            return look.looks();
+        // ---- literals
+
+        /** Begins to gather literals, none of which is of a higher level. */
+        void begin(int level) {
+            top = level;
         }
 
-        /** Begins to find bodies for a question. */
-        void begin() {
-            instances.forget();
-            look.count();
+        boolean isOver() {
+            return isOver;
         }
 
-        /** Finds the body of an instance if a level is enough for that, and tells whether it is. */
-        boolean finds(long one, long two, long three, int level) {
-            if (instances.isCrowded() || walk > Instances.MOST_WALKS - FEW) {
-                instances.forget();
-                walk = 0;
-            }
-            instances.makeRoom();
-            goal = instances.find(one, two, three, Instances.mixed(one, two, three));
-            if (goal == NONE) goal = instances.put(one, two, three, Instances.ALL);
-            if (goal == NONE) return false;
-            this.level = level;
-            startWalk(FORWARD);
-            for (int i = 0; i < MOST && phase != DONE; i++) {
-                if (phase < TRY || phase == TRY && ways.aims()) look.look();
-                switch (phase) {
-                    case DESCEND: descend(); break;
-                    case RUN_ON: runOn(path[height - 1]); break;
-                    case HOLD: hold(); break;
-                    case GATHER: gather(); break;
-                    case TRY: if (ways.isDone()) phase = END_TRY; else ways.goOn(); break;
-                    case GO_ON: goOn(); break;
-                    case END_WALK: endWalk(); break;
-                    case START_GATHERING: startGathering(); break;
-                    case GATHER_ON: gatherOn(); break;
-                    case END_GATHERING: endGathering(); break;
-                    case START_TRY: startTry(); break;
-                    case ASSUME: assumeNext(); break;
-                    default: endTry();
-                }
-            }
-            return isFound();
+        int atTop() {
+            return atTop;
         }
 
-        /** Lets an instance whose body could not be found have the one that it has if what is open does not hold. */
-        void settleAtLeast(long one, long two, long three) {
-            instances.makeRoom();
-            int id = instances.find(one, two, three, Instances.mixed(one, two, three));
-            if (id == NONE) id = instances.put(one, two, three, Instances.ALL);
-            if (id == NONE) return;
-            look.aim(one, two, three, id);
-            look.look();
-            int bodies = instances.whole(id) & look.set();
-            int least = look.leastBody();
-            if (bodies == 0 || (bodies & least) != 0) bodies = least;
-            instances.settle(id, 1 << Instances.code(bodies));
+        boolean isLiteral(int id) {
+            return (types.nodes[id] & Types.LITERAL) != 0;
         }
 
-        private boolean isFound() {
-            return Instances.isSingle(instances.whole(goal));
+        int setOf(int id) {
+            return (int) (types.nodes[id] >> Types.LITERAL_AT) & Bodies.ALL;
         }
 
-        /** How far it goes at this level from now on. */
-        private int last() {
-            return look.looks() + (LOOKS << level * FARTHER);
-        }
-
-        // ---- walks
-
-        private void startWalk(int next) {
-            plan = next;
-            phase = GO_ON;
-            walk++;
-            time = 1;
-            height = 0;
-            stacked = 0;
-            isCut = false;
-            isForked = false;
-            isPacked = false;
-            depth = 0;
-            limit = next == FORWARD && level == LEVELS - 1 ? look.looks() + MOST_LOOKS : last();
-        }
-
-        /** Aims at the last one of the path, or finds what else is to be done. */
-        private void goOn() {
-            instances.makeRoom();
-            if (instances.isFull() && plan != WITHIN && !isPacked && height > 0) {
-                phase = HOLD;
-                seen = 0;
-                look.aimAt(path[0]);
-                return;
-            }
-            if (height == 0) {
-                int first = instances.follow(goal);
-                boolean isNew = !isFound() && instances.walk(first) != walk;
-                if (isNew && mayEnter(first)) enter(first);
-            }
-            phase = height > 0 ? DESCEND : END_WALK;
-            if (height > 0) look.aimAt(path[height - 1]);
-        }
-
-        private void endWalk() {
-            boolean isEnd = plan == BACKWARD || plan == FORWARD && isCut && !isForked;
-            if (isFound() || isEnd) phase = DONE;
-            else gatherFor(plan == FORWARD && isCut ? NEAR : ALL);
-        }
-
-        private void gatherFor(int next) {
-            plan = next;
-            phase = START_GATHERING;
-        }
-
-        private void tryFor(int next) {
-            plan = next;
-            phase = START_TRY;
-        }
-
-        /** Holds what those on the path depend on; then all other instances are shed, so that there is room for new ones. */
-        private void hold() {
-            instances.holdMet();
-            seen++;
-            if (seen < height) {
-                look.aimAt(path[seen]);
-                return;
-            }
-            instances.hold(goal);
-            for (int i = 0; i < height + stacked; i++) {
-                instances.hold(path[i < height ? i : path.length - 1 - (i - height)]);
-            }
-            instances.shed();
-            goal = instances.moved(goal);
-            for (int i = 0; i < height + stacked; i++) {
-                int at = i < height ? i : path.length - 1 - (i - height);
-                path[at] = instances.moved(path[at]);
-            }
-            instances.remember();
-            isPacked = instances.isCrowded();
-            phase = GO_ON;
-        }
-
-        private boolean mayEnter(int id) {
-            boolean isNear = plan != WITHIN || id != NONE && instances.walk(id) == gathering;
-            boolean hasRoom = (id != NONE || !instances.isFull()) && time < Instances.MOST_TIMES;
-            boolean may = isNear && hasRoom && look.looks() < limit;
-            if (!may) isCut = true;
-            return may;
+        /** Takes a literal, unless it holds whatever is guessed. */
+        void add(int id, int set) {
+            boolean isKnown = isLiteral(id);
+            int now = isKnown ? set & setOf(id) : set;
+            int place = bodies.placeOf(id, now);
+            if (place < bodies.startOf(1)) return;
+            if (isKnown && bodies.placeOf(id, setOf(id)) >= bodies.startOf(top)) atTop--;
+            if (place >= bodies.startOf(top)) atTop++;
+            if (!isKnown) enter(id);
+            long others = types.nodes[id] & (1L << Types.LITERAL_AT) - 1;
+            types.nodes[id] = others | Types.LITERAL | (long) now << Types.LITERAL_AT;
         }
 
         private void enter(int id) {
-            makeRoom(height + stacked + 1);
-            instances.come(id, walk, time++, stacked);
-            path[height++] = id;
-        }
-
-        private void makeRoom(int least) {
-            if (least <= path.length) return;
-            int[] longer = Arrays.copyOf(path, Math.min(Instances.MOST + FEW, path.length << MORE));
-            for (int i = 0; i < stacked; i++) {
-                longer[longer.length - 1 - i] = path[path.length - 1 - i];
+            if (count == literals.length) {
+                if (count == MOST_LITERALS) {
+                    isOver = true;
+                    return;
+                }
+                literals = Arrays.copyOf(literals, Math.min(MOST_LITERALS, count << MORE));
             }
-            path = longer;
+            literals[count++] = id;
         }
 
-        private int stackedAt(int at) {
-            return path[path.length - 1 - at];
+        /** Takes a literal away that is of the highest level. */
+        void remove(int id) {
+            types.nodes[id] &= (1L << Types.LITERAL_AT) - 1 & ~Types.LITERAL;
+            atTop--;
         }
 
-        /** Goes on with what a look at the last one of the path has told. */
-        private void descend() {
-            int top = path[height - 1];
-            int set = instances.set(top) & look.set();
-            phase = GO_ON;
-            if (isAssumed()) {
-                if (set == 0) endAssumed(false);
-                else if (set == look.set()) endAssumed(true);
-                else goFrom(top);
-                return;
+        /** Forgets all literals. */
+        void clear() {
+            for (int i = 0; i < count; i++) {
+                types.nodes[literals[i]] &= (1L << Types.LITERAL_AT) - 1 & ~Types.LITERAL;
             }
-            if (set == 0) {
-                leaveWithout(top);
-                return;
+            count = 0;
+            atTop = 0;
+            isOver = false;
+        }
+
+        /** The highest level of a literal but for one instance; 0 if there is none. */
+        int highest(int but) {
+            int highest = 0;
+            for (int i = 0; i < count; i++) {
+                int id = literals[i];
+                if (id != but && isLiteral(id)) highest = Math.max(highest, bodies.levelOf(bodies.placeOf(id, setOf(id))));
             }
-            instances.putSet(top, set);
-            if (look.isStrict()) instances.restrict(top);
-            int map = Instances.isSingle(set) ? NONE : look.mapFromOther();
-            if (Instances.isSingle(set)) leave(top);
-            else if (map == NONE || !goesAlong(top, map)) goFrom(top);
+            return highest;
         }
 
-        /** Leaves the last one of the path. Those in circles with it can be come to again, as more is known then. */
-        private void leave(int top) {
-            height--;
-            while (stacked > instances.place(top)) {
-                stacked--;
-                instances.come(stackedAt(stacked), plan == WITHIN ? gathering : 0, 0, 0);
+        /** Begins anew to count those of the highest level. */
+        void putTop(int level) {
+            top = level;
+            atTop = 0;
+            int left = 0;
+            for (int i = 0; i < count; i++) {
+                int id = literals[i];
+                if (!isLiteral(id)) continue;
+                literals[left++] = id;
+                if (bodies.placeOf(id, setOf(id)) >= bodies.startOf(top)) atTop++;
             }
+            count = left;
         }
 
-        /** There is no body that goes for an instance: it is not sure, or that which was asked for if this depends on it. */
-        private void leaveWithout(int top) {
-            if (depth > 0) {
-                endAssumed(false);
-                return;
+        // ---- nogoods
+
+        int nogoods() {
+            return nogoods;
+        }
+
+        /** Keeps the literals as a nogood, and tells its number; NONE if there is no room. */
+        int kept() {
+            int from = starts[nogoods];
+            if (nogoods + 2 > starts.length) starts = Arrays.copyOf(starts, Math.min(MOST, starts.length << MORE));
+            if (nogoods + 2 > starts.length || from + count > MOST_WORDS) return NONE;
+            while (from + count > words.length) {
+                words = Arrays.copyOf(words, Math.min(MOST_WORDS, words.length << MORE));
             }
-            boolean isGoal = instances.follow(goal) == top;
-            instances.settle(isGoal ? goal : top, 1 << Instances.UNSURE);
-            if (isGoal) phase = DONE;
-            else leave(top);
-        }
-
-        /** Binds an instance to the only one on which its body depends, or begins to run on from this. */
-        private boolean goesAlong(int top, int map) {
-            int other = look.supposals().id(1);
-            if (other == NONE && plan == WITHIN) return false;
-            if (other == NONE && instances.count() > DENSE) {
-                run = 1;
-                runMap = map;
-                look.aimAtOther();
-                phase = RUN_ON;
-                return true;
+            if (!bodies.hasEdges(count)) return NONE;
+            int at = from;
+            for (int i = 0; i < count; i++) {
+                int id = literals[i];
+                if (!isLiteral(id)) continue;
+                bodies.linkNogood(nogoods, id);
+                words[at++] = id | (long) setOf(id) << SET_AT;
+                // One that was taken twice is kept once.
+                types.nodes[id] &= ~Types.LITERAL;
             }
-            if (other == NONE) other = putStop(1);
-            if (other == NONE) return false;
-            goAlong(top, other, map);
-            return true;
+            starts[++nogoods] = at;
+            return nogoods - 1;
         }
 
-        private int putStop(int at) {
-            int id = look.supposals().id(at);
-            if (id != NONE) return id;
-            int set = at == 0 ? Instances.ALL : look.supposals().set(at);
-            Supposals others = look.supposals();
-            return instances.put(others.word(at, 0), others.word(at, 1), others.word(at, 2), set);
+        int start(int nogood) {
+            return starts[nogood];
         }
 
-        private void goAlong(int top, int other, int map) {
-            leave(top);
-            bind(top, other, map);
-            if (instances.walk(other) != walk && mayEnter(other)) enter(other);
+        int idAt(int at) {
+            return (int) words[at] & Types.ID;
         }
 
-        private void bind(int id, int other, int map) {
-            int set = instances.set(other) & Instances.origin(map, instances.set(id));
-            if (set != 0) instances.putSet(other, set);
-            instances.bind(id, other, map);
+        int setAt(int at) {
+            return (int) (words[at] >> SET_AT) & Bodies.ALL;
         }
 
-        /** Goes on along a line of instances, each of which depends on the next one alone. */
-        private void runOn(int top) {
-            int map = Instances.isSingle(look.set()) ? NONE : look.mapFromOther();
-            int next = NONE;
-            int bodies = 0;
-            if (map != NONE) {
-                runMap = Instances.chained(runMap, map);
-                next = look.supposals().id(1);
-                bodies = Instances.image(runMap, look.supposals().set(1));
-            } else if (Instances.isSingle(look.set())) {
-                bodies = Instances.image(runMap, look.set());
+        /** Forgets all nogoods. */
+        void forget() {
+            for (int i = starts[nogoods] - 1; i >= 0; i--) {
+                bodies.unlinkNogood(idAt(i));
             }
-            if (next == top) bodies = sameIn(runMap);
-            boolean isEnd = next == top || bodies != 0 && Instances.isSingle(bodies);
-            if (!isEnd && map != NONE && next == NONE && run < RUN && look.looks() < limit) {
-                run++;
-                look.aimAtOther();
-                return;
-            }
-            phase = GO_ON;
-            if (isEnd) endRun(top, bodies);
-            else goFromRun(top, putStop(map == NONE ? 0 : 1));
-        }
-
-        private void endRun(int top, int bodies) {
-            int set = instances.set(top) & bodies;
-            if (set == 0) {
-                leaveWithout(top);
-                return;
-            }
-            instances.putSet(top, set);
-            leave(top);
-            if (!Instances.isSingle(set)) instances.leave(top);
-        }
-
-        private void goFromRun(int top, int next) {
-            if (next != NONE) {
-                goAlong(top, next, runMap);
-            } else {
-                isCut = true;
-                leave(top);
-                instances.leave(top);
-            }
-        }
-
-        /** The bodies for which a map tells the same one. */
-        private static int sameIn(int map) {
-            int all = 0;
-            for (int i = 0; i < Instances.BODIES; i++) {
-                if (Instances.mapped(map, i) == i) all |= 1 << i;
-            }
-            return all;
-        }
-
-        /** Goes from an instance to the next one on which it depends; if there is none, leaves it. */
-        private void goFrom(int top) {
-            if (look.isOver()) isCut = true;
-            isForked = true;
-            int next = NONE;
-            int least = instances.time(top);
-            for (int i = 1; i < look.supposals().count(); i++) {
-                int at = plan == BACKWARD ? look.supposals().count() - i : i;
-                int id = look.supposals().id(at);
-                boolean isNew = id == NONE || instances.walk(id) != walk;
-                if (isNew && next == NONE && mayEnter(id)) next = at;
-                if (!isNew && !instances.isLeft(id)) least = Math.min(least, instances.time(id));
-            }
-            if (least < instances.time(top)) instances.lower(top, least);
-            int id = next == NONE ? NONE : putStop(next);
-            if (id != NONE) enter(id);
-            else leaveOpen(top);
-        }
-
-        /** Leaves an instance whose body is not found. All with which it is in a circle are tried together. */
-        private void leaveOpen(int top) {
-            if (isAssumed()) {
-                endAssumed(true);
-                return;
-            }
-            height--;
-            if (instances.isLowered(top)) {
-                path[path.length - 1 - stacked] = top;
-                stacked++;
-                return;
-            }
-            int end = stacked;
-            while (stacked > 0 && instances.time(stackedAt(stacked - 1)) >= instances.time(top)) {
-                stacked--;
-            }
-            instances.leave(top);
-            instances.clearMembers();
-            boolean doFit = end > stacked;
-            for (int i = stacked; i < end; i++) {
-                instances.leave(stackedAt(i));
-                doFit = doFit && instances.takes(stackedAt(i));
-            }
-            if (doFit && instances.takes(top)) phase = START_TRY;
-            else if (end > stacked) assume(top);
-        }
-
-        // ---- assuming
-
-        /** Begins to assume, one after another, the bodies that an instance can have; it is the next one on the path. */
-        private void assume(int top) {
-            instances.clearMembers();
-            if (depth == MOST_ASSUMED) return;
-            int row = depth * ROW;
-            path[height] = top;
-            assumed[row + HEIGHT] = height;
-            assumed[row + STACKED] = stacked;
-            assumed[row + TIME] = instances.time(top);
-            assumed[row + BODIES] = instances.set(top);
-            assumed[row + LEFT] = instances.set(top);
-            assumed[row + GOING] = 0;
-            depth++;
-            phase = ASSUME;
-        }
-
-        /** Whether the last one of the path is that of which something is assumed. */
-        private boolean isAssumed() {
-            return depth > 0 && assumed[(depth - 1) * ROW + HEIGHT] == height - 1;
-        }
-
-        private void endAssumed(boolean doesGo) {
-            int row = (depth - 1) * ROW;
-            if (doesGo) assumed[row + GOING] |= assumed[row + ASSUMED];
-            phase = ASSUME;
-        }
-
-        /** Assumes the next body, or ends: then the only body that goes is the one that it has. */
-        private void assumeNext() {
-            int row = (depth - 1) * ROW;
-            int going = assumed[row + GOING];
-            height = assumed[row + HEIGHT];
-            stacked = assumed[row + STACKED];
-            int top = path[height];
-            instances.putDepth(depth);
-            instances.forgetAssumed(walk, assumed[row + TIME], plan == WITHIN ? gathering : 0);
-            phase = GO_ON;
-            if (assumed[row + LEFT] != 0 && (going & going - 1) == 0) {
-                int next = first(assumed[row + LEFT]);
-                assumed[row + LEFT] &= ~next;
-                assumed[row + ASSUMED] = next;
-                instances.putSet(top, next);
-                enter(top);
-                return;
-            }
-            depth--;
-            instances.putDepth(depth);
-            instances.putSet(top, going == 0 ? assumed[row + BODIES] : going);
-            instances.restrict(top);
-            if (going == 0) endCircle(Ways.NO_WAY, top);
-            if ((going & going - 1) == 0) return;
-            instances.come(top, walk, assumed[row + TIME], stacked);
-            instances.leave(top);
-        }
-
-        // ---- gathering
-
-        private void startGathering() {
-            phase = GATHER_ON;
-            instances.makeRoom();
-            gathering = ++walk;
-            height = 0;
-            seen = 0;
-            stacked = 0;
-            isCut = false;
-            limit = last();
-            add(instances.follow(goal));
-            for (int i = 0; i < types.numbered() && plan == WIDEST; i++) {
-                int id = idOfNumbered(i);
-                if (id != NONE) add(instances.follow(id));
-            }
-            for (int i = 0; i < instances.count() && plan != NEAR; i++) {
-                if (instances.isStrict(i)) add(i);
-            }
-        }
-
-        /** An instance that has a number, NONE for other types. */
-        private int idOfNumbered(int number) {
-            if (!Types.isInstance(types.head(number)) || types.isOpen(number)) return NONE;
-            types.pack(number * Types.WIDTH);
-            long mixed = Instances.mixed(types.first, types.second, types.third);
-            int id = instances.find(types.first, types.second, types.third, mixed);
-            return id != NONE ? id : instances.put(types.first, types.second, types.third, Instances.ALL);
-        }
-
-        private void add(int id) {
-            if (id == NONE || height >= (plan == NEAR ? MOST_NEAR : Instances.MOST_MEMBERS)) {
-                isCut = true;
-                return;
-            }
-            if (instances.walk(id) == gathering) return;
-            instances.come(id, gathering, 0, 0);
-            makeRoom(height + 1);
-            path[height++] = id;
-        }
-
-        private void gatherOn() {
-            instances.makeRoom();
-            while (seen < height && isDecided(path[seen])) {
-                seen++;
-            }
-            if (seen < height && look.looks() >= limit) isCut = true;
-            phase = seen < height && look.looks() < limit ? GATHER : END_GATHERING;
-            if (phase == GATHER) look.aimAt(path[seen]);
-        }
-
-        private boolean isDecided(int id) {
-            if (instances.isBound(id) || instances.isSettled(id)) return true;
-            return Instances.isSingle(instances.set(id)) && (plan == NEAR || !instances.isStrict(id));
-        }
-
-        private void gather() {
-            int id = path[seen++];
-            int set = instances.set(id) & look.set();
-            boolean isGoal = set == 0 && instances.follow(goal) == id;
-            if (set == 0) instances.settle(isGoal ? goal : id, 1 << Instances.UNSURE);
-            else instances.putSet(id, set);
-            if (set != 0 && look.isStrict()) instances.restrict(id);
-            phase = isGoal ? DONE : GATHER_ON;
-            int map = Instances.isSingle(set) ? NONE : look.mapFromOther();
-            if (look.isOver()) isCut = true;
-            for (int i = 1; i < look.supposals().count() && !isDecided(id); i++) {
-                int other = putStop(i);
-                if (other != NONE && map != NONE) bind(id, other, map);
-                add(other);
-            }
-        }
-
-        private void endGathering() {
-            if (isFound()) {
-                phase = DONE;
-            } else if (plan == NEAR) {
-                startWalk(WITHIN);
-            } else {
-                takeMembers();
-                tryFor(plan == ALL ? NARROW : plan == WIDEST ? WIDER : FIRST_ALONE);
-            }
-        }
-
-        /** Takes all that were gathered and are not decided, those that are near last. */
-        private void takeMembers() {
-            instances.clearMembers();
-            for (int i = height - 1; i >= 0; i--) {
-                if (!isDecided(path[i]) && !instances.takes(path[i])) isCut = true;
-            }
-        }
-
-        // ---- trying
-
-        private void startTry() {
-            phase = TRY;
-            int last = look.looks() + Math.max(instances.members() * 2, Math.min(MOST_TRIED, LOOKS << level * FARTHER));
-            // In a circle on the way it goes no farther than the walk.
-            if (isCircle()) last = Math.max(limit, look.looks() + instances.members() * 2);
-            boolean isFirst = plan == FIRST || plan == FIRST_ALONE;
-            boolean isWide = plan == WIDE || plan == WIDER;
-            int tested = isCircle() ? instances.member(instances.members() - 1) : goal;
-            if (isFirst) ways.beginFirst(tested, last);
-            else if (isCircle()) ways.beginForAll(tested, last);
-            else ways.begin(tested, isWide, last);
-        }
-
-        /** Whether those are tried that are in a circle on the way. */
-        private boolean isCircle() {
-            return plan <= WITHIN || plan == BACKWARD;
-        }
-
-        private void endTry() {
-            int found = ways.found();
-            if (isCircle()) {
-                endCircle(found, instances.member(instances.members() - 1));
-            } else if (found == Ways.ONE) {
-                if (plan == FIRST || plan == FIRST_ALONE) instances.settle(goal, ways.survivors());
-                phase = DONE;
-            } else if (found == Ways.UNKNOWN) {
-                endWithout();
-            } else if (plan == NARROW && found == Ways.NO_WAY) {
-                instances.settle(goal, 1 << Instances.UNSURE);
-                phase = DONE;
-            } else if (plan == NARROW) {
-                tryFor(WIDE);
-            } else if (isCut && plan == WIDE) {
-                startWalk(BACKWARD);
-            } else if (plan == WIDE) {
-                gatherFor(WIDEST);
-            } else if (plan == WIDER) {
-                tryFor(FIRST);
-            } else if (plan == FIRST) {
-                gatherFor(ALONE);
-            } else {
-                instances.settle(goal, first(instances.whole(goal)));
-                phase = DONE;
-            }
-        }
-
-        private void endWithout() {
-            if (plan == FIRST || plan == WIDER) gatherFor(ALONE);
-            else if (plan == NARROW || plan == WIDE) startWalk(BACKWARD);
-            else phase = DONE;
-        }
-
-        /** The body that is taken first where the document is silent, as a set. */
-        static int first(int set) {
-            return (set >> Instances.ITSELF & 1) == 1 ? 1 << Instances.ITSELF : set & -set;
-        }
-
-        /** Goes on when all those in a circle were tried, of which one was come to first. */
-        private void endCircle(int found, int top) {
-            phase = GO_ON;
-            for (int i = 0; i < instances.members() && (found == Ways.ONE || found == Ways.NO_WAY); i++) {
-                instances.come(instances.member(i), plan == WITHIN ? gathering : 0, 0, 0);
-            }
-            instances.clearMembers();
-            if (found == Ways.UNKNOWN) {
-                isCut = true;
-                if (look.looks() < limit) assume(top);
-            }
-            if (found != Ways.NO_WAY) return;
-            if (depth > 0) {
-                endAssumed(false);
-                return;
-            }
-            boolean isGoal = instances.follow(goal) == top;
-            instances.settle(isGoal ? goal : top, 1 << Instances.UNSURE);
-            if (isGoal) phase = DONE;
+            nogoods = 0;
         }
     }
 
     /**
-     * Tries ways to choose the bodies of the members, which ask for one another. A body is guessed for one of them, and what
-     * follows must go with the guesses. Where just one body of the goal goes with the document, it is this one; the
-     * document is silent about several ways, and about none.
+     * Finds bodies that go together, where instances ask for one another: it guesses a body where it comes back to one on
+     * its way, finds what follows, and looks at last whether each body follows from the others. What clashes is led back to
+     * guesses that do not go together, and the last of these is taken back.
      */
-    private static final class Ways {
-        /** What was found. */
+    private static final class Search {
+        /** What is found: nothing within the limits; that there is no way; a way. */
         static final int UNKNOWN = 0;
         static final int NO_WAY = 1;
-        static final int ONE = 2;
-        static final int MORE_THAN_ONE = 3;
+        static final int FOUND = 2;
+        /** For whom bodies are looked for: for all who are open; for the goals; for these, if need be with guesses for good. */
+        static final int FOR_ALL = 0;
+        static final int FOR_GOALS = 1;
+        static final int AT_LEAST = 2;
 
-        /** What is done next; the first two begin with a look. */
+        /** What is done next. */
         private static final int SPREAD = 0;
-        private static final int JUDGE = 1;
-        private static final int NEXT = 2;
-        private static final int GUESS = 3;
-        private static final int CLASH = 4;
-        private static final int LEAVE_OUT = 5;
-        private static final int NEXT_SUBJECT = 6;
-        private static final int END = 7;
-        private static final int DONE = 8;
+        private static final int VISITED = 1;
+        private static final int AIM = 2;
+        private static final int DESCENDED = 3;
+        private static final int JUDGED = 4;
+        private static final int CLASHED = 5;
+        private static final int LEAD_BACK = 6;
+        private static final int LED_BACK = 7;
+        private static final int BLOCKED = 8;
+        private static final int DONE = 9;
 
-        /**
-         * A guess: for whom, the bodies that are left to try, how many there were on the trail ahead of it, how many guesses
-         * there were when it was seen to go with what follows from it, 0 if it was not; the earlier guesses with which the
-         * bodies that were tried do not go; the body that is tried.
-         */
-        private static final int GUESSED = 0;
-        private static final int UNTRIED = 1;
-        private static final int AHEAD = 2;
-        private static final int SEEN = 3;
-        private static final int CONFLICT = 4;
-        private static final int TRIED = 5;
-        private static final int ROW = 6;
-        private static final int MOST = 1 << 12;
-        /** The guesses behind the others share the last bit. */
-        private static final int LAST_BIT = 62;
+        /** Why one was narrowed: a guess, what follows from others, what alone follows from others, or a nogood. */
+        private static final int GUESS = 0;
+        private static final int FOLLOWS = 1;
+        private static final int FOLLOWS_ALONE = 2;
+        private static final int NOGOOD = 3;
 
-        private static final int MOST_TRAILED = 1 << 16;
+        private static final int MOST = 1 << 28;
+        private static final int MOST_PATH = 400_000;
+        private static final int MOST_RESTARTS = 1 << 8;
         private static final int FEW = 1 << 6;
-        private static final int MORE = 4;
+        private static final int MORE = 5;
 
         private final Types types;
-        private final Instances instances;
+        private final Bodies bodies;
+        private final Chains chains;
         private final Look look;
+        private final Nogoods nogoods;
         private int phase;
         private int found;
-        private int goal;
-        private int limit;
-        private boolean isWide;
-        private boolean isFirst;
-        private boolean isForAll;
-        /** For whom bodies are tested: the goal, then members; the place of the last one of these. */
-        private int subject;
-        private int subjectPlace;
-        /** The bodies that are left to test, that which is tested, and those that go. */
-        private int untested;
-        private int tested;
-        private int survivors;
-        private long[] guesses = new long[0];
-        private int guessed;
-        /** The instances that were narrowed with their bodies ahead of that, and the guesses on which these depended. */
-        private long[] trail = new long[0];
-        private int trailed;
-        /** The guesses on which a clash depends, as bits; the only one of them. */
-        private long conflict;
-        private int blamed;
-        /** The place of the member, or the guess, that is looked at. */
+        private int mode;
+        /** The one that is looked at; how far changes were spread, and along which edge. */
         private int one;
+        private int spread;
+        private int edge;
+        /** Those from whom it goes on, the last one first; those for whom it is to find bodies; and how far it came. */
+        private int[] path = new int[FEW];
+        private int height;
+        private int[] aims = new int[FEW];
+        private int aimCount;
+        private int aimed;
+        private int judged;
+        /** The place of the trail that is led back, and the bodies to which the one was narrowed there. */
+        private int place;
+        private int literal;
+        private int restarts;
+        /** Whether something was left out, so that it is not known that there is no way. */
+        private boolean isCut;
 
-        Ways(Types types, Instances instances, Look look) {
+        Search(Types types, Bodies bodies, Chains chains, Look look) {
             this.types = types;
-            this.instances = instances;
+            this.bodies = bodies;
+            this.chains = chains;
             this.look = look;
+            nogoods = new Nogoods(types, bodies);
         }
 
-        int found() {
+        /** Finds bodies for one, or for all that a mode tells, and keeps them if it does. */
+        int run(int mode, int only, int limit) {
+            int last = look.looks() + limit;
+            boolean isSure = !bodies.hasChosen() && mode != AT_LEAST;
+            begin(mode, only);
+            for (int i = 0; i < MOST && phase != DONE; i++) {
+                if (look.isBusy()) {
+                    look.goOn();
+                    continue;
+                }
+                boolean isOut = look.looks() > last || types.isShort() || !bodies.hasRoom() || nogoods.isOver();
+                if (isOut) end(UNKNOWN);
+                switch (phase) {
+                    case SPREAD: spreadOn(); break;
+                    case VISITED: visited(); break;
+                    case AIM: aim(); break;
+                    case DESCENDED: descended(); break;
+                    case JUDGED: judge(); break;
+                    case CLASHED: startBack(Bodies.ALL & ~look.set()); break;
+                    case BLOCKED: startBack(bodies.setOf(one)); break;
+                    case LEAD_BACK: leadBack(); break;
+                    case LED_BACK: ledBack(); break;
+                    default:
+                }
+            }
+            finish(isSure && !isCut);
             return found;
         }
 
-        int survivors() {
-            return survivors;
-        }
-
-        boolean isDone() {
-            return phase == DONE;
-        }
-
-        /** Begins to find which bodies of the goal go; in a wide way all members must have a body. */
-        void begin(int goal, boolean isWide, int limit) {
-            this.goal = goal;
-            this.isWide = isWide;
-            this.limit = limit;
-            isFirst = false;
-            isForAll = false;
-            subjectPlace = instances.members();
-            test(goal);
-            guessed = 0;
-            trailed = 0;
-            instances.queueAll();
+        private void begin(int mode, int only) {
+            this.mode = mode;
             phase = SPREAD;
-        }
-
-        private void test(int id) {
-            subject = id;
-            untested = Instances.ALL;
-            tested = 0;
-            survivors = 0;
-            phase = NEXT;
-        }
-
-        /** Begins to find the bodies of all members, if just one body of the goal goes. */
-        void beginForAll(int goal, int limit) {
-            begin(goal, false, limit);
-            isForAll = true;
-        }
-
-        /** Begins to find the first way, in which those that have numbers come first, so that all calls find the same one. */
-        void beginFirst(int goal, int limit) {
-            begin(goal, true, limit);
-            isFirst = true;
-        }
-
-        /** Aims at the one that must be looked at next, and tells whether there is one. */
-        boolean aims() {
-            one = phase == SPREAD ? instances.nextQueued() : NONE;
-            if (one != NONE) look.aimAt(instances.member(one));
-            for (int i = 0; i < guessed && phase == JUDGE && one == NONE; i++) {
-                if (guesses[i * ROW + SEEN] == 0) one = i;
+            spread = 0;
+            edge = 0;
+            height = 0;
+            aimCount = 0;
+            aimed = 0;
+            judged = 0;
+            restarts = 0;
+            isCut = false;
+            if (only != NONE) putAim(only);
+            for (int i = 0; i < bodies.goals() && only == NONE && mode != FOR_ALL; i++) {
+                putAim(bodies.goal(i));
             }
-            if (phase == JUDGE && one != NONE) look.aimAt(instances.follow((int) guesses[one * ROW + GUESSED]));
-            return one != NONE;
+            for (int id = Types.POINTER; id < types.count && mode == FOR_ALL; id++) {
+                if (bodies.is(id, Bodies.EXPANDED)) putAim(id);
+            }
         }
 
-        /** Goes on with what the look has told, if there was one. */
-        void goOn() {
-            boolean isOut = look.looks() > limit || guessed == MOST || trailed + 1 >= MOST_TRAILED;
-            if (isOut && phase != END) end(subject == goal ? UNKNOWN : ONE);
-            switch (phase) {
-                case SPREAD:
-                    if (one != NONE) take();
-                    else phase = guessed == 0 ? NEXT : JUDGE;
-                    break;
-                case JUDGE:
-                    if (one != NONE) judge();
-                    else choose();
-                    break;
-                case NEXT: next(); break;
-                case GUESS: tryNext(); break;
-                case CLASH: goBack(); break;
-                case LEAVE_OUT: leaveOut(blamed); break;
-                case NEXT_SUBJECT: nextSubject(); break;
-                default: finish();
+        private void putAim(int id) {
+            if (!bodies.isOpen(id)) return;
+            if (aimCount == MOST_PATH) {
+                end(UNKNOWN);
+                return;
             }
+            if (aimCount == aims.length) aims = Arrays.copyOf(aims, Math.min(MOST_PATH, aimCount << MORE));
+            aims[aimCount++] = id;
         }
 
         private void end(int what) {
             found = what;
-            phase = END;
-        }
-
-        private void finish() {
-            if (found == NO_WAY) undo(0);
-            else if (guessed > 0) undo((int) guesses[AHEAD]);
             phase = DONE;
         }
 
-        /** Finds which body of the subject is tested next. */
-        private void next() {
-            untested &= instances.whole(subject);
-            if (isFirst) {
-                phase = JUDGE;
-            } else if (untested == 0 || Integer.bitCount(survivors) > 1) {
-                endSubject(Integer.bitCount(survivors));
-            } else {
-                tested = Descent.first(untested);
-                untested &= ~tested;
-                put(subject, tested);
+        private void finish(boolean isSure) {
+            while (height > 0) {
+                bodies.unmark(path[--height], Bodies.ON_PATH);
             }
-        }
-
-        /** Ends with the subject when so many of its bodies go, and goes on to the next one. */
-        private void endSubject(int going) {
-            // The others were ruled out for it; that it has this one must still go with what is found of others.
-            if (going == 1) instances.restrict(instances.follow(subject));
-            if (subject == goal && (going != 1 || !isForAll)) {
-                end(going == 0 ? NO_WAY : going == 1 ? ONE : MORE_THAN_ONE);
+            nogoods.clear();
+            nogoods.forget();
+            if (found == FOUND) {
+                bodies.keepTrail(isSure);
                 return;
             }
-            if (subject == goal) trailed = 0;
-            phase = NEXT_SUBJECT;
+            bodies.undoLevels(0);
+            bodies.undo(0);
         }
 
-        private void nextSubject() {
-            subjectPlace--;
-            int next = subjectPlace < 0 ? NONE : instances.member(subjectPlace);
-            if (next == NONE) end(ONE);
-            else if (!Instances.isSingle(instances.set(next))) test(next);
+        // ---- what follows
+
+        private void lookAt(int id, int next) {
+            one = id;
+            phase = next;
+            look.begin(id, NONE, false);
         }
 
-        /** Puts a guess for an instance, to try some bodies. */
-        private void put(int id, int set) {
-            if (!instances.isMember(instances.follow(id))) {
-                end(UNKNOWN);
-                return;
-            }
-            if ((guessed + 1) * ROW > guesses.length) {
-                guesses = Arrays.copyOf(guesses, Math.max(FEW * ROW, Math.min(MOST * ROW, guesses.length << MORE)));
-            }
-            int at = guessed * ROW;
-            guesses[at + GUESSED] = id;
-            guesses[at + UNTRIED] = set;
-            guesses[at + AHEAD] = trailed;
-            guesses[at + SEEN] = 0;
-            guesses[at + CONFLICT] = instances.reasons(instances.follow(id));
-            guessed++;
-            phase = GUESS;
-        }
-
-        private static long bit(int guess) {
-            return 1L << Math.min(guess, LAST_BIT);
-        }
-
-        private void tryNext() {
-            int at = (guessed - 1) * ROW;
-            int body = Descent.first((int) guesses[at + UNTRIED]);
-            guesses[at + UNTRIED] &= ~body;
-            guesses[at + TRIED] = body;
-            guesses[at + SEEN] = 0;
-            int decider = instances.follow((int) guesses[at + GUESSED]);
-            int set = instances.set(decider) & Instances.origin(instances.map(), body);
-            long reasons = Instances.isSingle(set) ? 0 : instances.reasons(decider);
-            narrow(decider, set, reasons | bit(guessed - 1));
+        private void narrow(int id, int set, int reason) {
+            bodies.narrow(id, set, reason);
             phase = SPREAD;
         }
 
-        /** Lets a member have fewer bodies, for some guesses, and queues those who depend on it. */
-        private void narrow(int id, int set, long reasons) {
-            if ((trailed + 1) * 2 > trail.length) {
-                int most = Math.min(MOST_TRAILED * 2, trail.length << MORE);
-                trail = Arrays.copyOf(trail, Math.max(FEW * 2, most));
-            }
-            trail[trailed * 2] = (long) id << Instances.BODIES | instances.set(id);
-            trail[trailed * 2 + 1] = instances.reasons(id);
-            trailed++;
-            instances.putSet(id, set);
-            instances.putReasons(id, reasons);
-            instances.queueFrom(id);
-        }
-
-        private void undo(int left) {
-            while (trailed > left) {
-                trailed--;
-                int id = (int) (trail[trailed * 2] >> Instances.BODIES);
-                instances.putSet(id, (int) trail[trailed * 2] & Instances.ALL);
-                instances.putReasons(id, trail[trailed * 2 + 1]);
-            }
-        }
-
-        /** Takes what follows for a member from what is known or guessed of others. */
-        private void take() {
-            int id = instances.member(one);
-            // Those on whom it depends are never more later, as more is known then.
-            boolean isLinked = instances.isLinked(one);
-            for (int i = 1; i < look.supposals().count() && !isLinked; i++) {
-                int other = look.supposals().id(i);
-                if (other != NONE) instances.link(one, other);
-            }
-            int set = instances.set(id);
-            int next = set & look.set();
-            long reasons = instances.reasons(id) | look.reasons();
-            if (next == 0) clash(reasons);
-            else if (next != set) narrow(id, next, reasons);
-        }
-
-        private void clash(long reasons) {
-            conflict = reasons;
-            phase = CLASH;
-            int next = 0;
-            for (int i = 0; i <= instances.members() && next != NONE; i++) {
-                next = instances.nextQueued();
-            }
-        }
-
-        /** Looks whether a guess goes with what follows from it; if that is open, guesses for one on whom it depends. */
-        private void judge() {
-            int decider = instances.follow((int) guesses[one * ROW + GUESSED]);
-            int set = instances.set(decider);
-            if ((set & look.set()) == 0) {
-                clash(instances.reasons(decider) | look.reasons());
+        /** Spreads what was narrowed to the next one of those who depend on it. */
+        private void spreadOn() {
+            if (edge == 0) {
+                if (spread == bodies.trailed()) phase = AIM;
+                else edge = bodies.firstEdge(bodies.idAt(spread++));
                 return;
             }
-            int next = NONE;
-            for (int i = 1; i < look.supposals().count() && (look.set() & ~set) != 0 && next == NONE; i++) {
-                int other = look.supposals().id(i);
-                boolean isOpen = other != NONE && !Instances.isSingle(instances.set(other));
-                if (isOpen && instances.isMember(other)) next = other;
-            }
-            if (next == NONE) guesses[one * ROW + SEEN] = guessed;
-            else put(next, instances.set(next));
+            int target = bodies.target(edge);
+            boolean isNogood = bodies.isNogood(edge);
+            edge = bodies.nextEdge(edge);
+            if (isNogood) check(target);
+            else if (target >= Types.POINTER && !isFixed(target)) lookAt(target, VISITED);
         }
 
-        /** All guesses go with what follows. In a wide way it guesses on until all members have a body. */
-        private void choose() {
-            int next = isFirst ? nextWithNumber() : NONE;
-            for (int i = instances.members() - 1; i >= 0 && isWide && next == NONE; i--) {
-                if (!Instances.isSingle(instances.set(instances.member(i)))) next = instances.member(i);
-            }
-            if (next != NONE) {
-                put(next, instances.whole(next));
-            } else if (isFirst) {
-                survivors = Descent.first(instances.whole(goal));
-                end(ONE);
-            } else {
-                survivors |= tested;
-                undo((int) guesses[AHEAD]);
-                guessed = 0;
-                phase = NEXT;
-            }
+        /** Whether the only body of an instance follows from what is narrowed already. */
+        private boolean isFixed(int id) {
+            int place = bodies.place(id);
+            return place == NONE ? !bodies.isOpen(id) : bodies.reason(place) == FOLLOWS_ALONE;
         }
 
-        private int nextWithNumber() {
-            for (int i = 0; i < types.numbered(); i++) {
-                if (!Types.isInstance(types.head(i)) || types.isOpen(i)) continue;
-                types.pack(i * Types.WIDTH);
-                long mixed = Instances.mixed(types.first, types.second, types.third);
-                int id = instances.find(types.first, types.second, types.third, mixed);
-                if (id == NONE || Instances.isSingle(instances.whole(id))) continue;
-                if (instances.isMember(instances.follow(id))) return id;
+        /** Sees to it that not all of a nogood holds. */
+        private void check(int nogood) {
+            int open = NONE;
+            for (int i = nogoods.start(nogood); i < nogoods.start(nogood + 1); i++) {
+                boolean holds = (bodies.setOf(nogoods.idAt(i)) & ~nogoods.setAt(i)) == 0;
+                if (!holds && open != NONE) return;
+                if (!holds) open = i;
+            }
+            if (open != NONE) {
+                int id = nogoods.idAt(open);
+                int set = bodies.setOf(id) & ~nogoods.setAt(open);
+                if (set != bodies.setOf(id)) narrow(id, set, NOGOOD + nogood);
+                return;
+            }
+            nogoods.begin(bodies.level());
+            for (int i = nogoods.start(nogood); i < nogoods.start(nogood + 1); i++) {
+                nogoods.add(nogoods.idAt(i), nogoods.setAt(i));
+            }
+            place = bodies.trailed();
+            phase = LEAD_BACK;
+        }
+
+        /** Takes over what follows for the one that was looked at; tells whether something did. */
+        private boolean follows() {
+            int now = bodies.setOf(one);
+            int set = now & look.set();
+            if (set == 0) clash(CLASHED);
+            else if (set != now) narrow(one, set, isAlone() ? FOLLOWS_ALONE : FOLLOWS);
+            return set != now;
+        }
+
+        /** Whether the one that was looked at has just one body, whatever the others have that are open. */
+        private boolean isAlone() {
+            return Bodies.isSingle(look.set()) && !look.isStrict();
+        }
+
+        private void visited() {
+            if (!follows()) phase = SPREAD;
+        }
+
+        // ---- on whom it depends
+
+        /** Aims at the next one to look at: the last one of the path, or one that must have a body, or one to judge. */
+        private void aim() {
+            while (height > 0 && bodies.isDecided(path[height - 1])) {
+                bodies.unmark(path[--height], Bodies.ON_PATH);
+            }
+            while (aimed < aimCount && !bodies.isOpen(aims[aimed])) {
+                aimed++;
+            }
+            if (height > 0) lookAt(path[height - 1], DESCENDED);
+            else if (aimed < aimCount && bodies.isDecided(aims[aimed])) lookAt(aims[aimed], JUDGED);
+            else if (aimed < aimCount) enter(aims[aimed]);
+            else if (judged == bodies.trailed()) end(FOUND);
+            else if (isJudged(judged)) judged++;
+            else lookAt(bodies.idAt(judged), JUDGED);
+        }
+
+        private void enter(int id) {
+            if (height == MOST_PATH) {
+                end(UNKNOWN);
+                return;
+            }
+            if (height == path.length) path = Arrays.copyOf(path, Math.min(MOST_PATH, height << MORE));
+            bodies.mark(id, Bodies.ON_PATH);
+            path[height++] = id;
+            phase = AIM;
+        }
+
+        private void descended() {
+            if (follows()) return;
+            int next = nextOpen();
+            boolean isFar = mode == AT_LEAST && height > 1 && !bodies.is(one, Bodies.EXPANDED);
+            int back = next == NONE ? openOnPath() : NONE;
+            if (next != NONE && !isFar) enter(next);
+            else if (back != NONE) guess(back);
+            else if (mode == AT_LEAST) guess(one);
+            else block();
+        }
+
+        /** The next one on which the one depends that was looked at. */
+        private int nextOpen() {
+            for (int i = 0; i < chains.opened(); i++) {
+                int id = chains.openAt(i);
+                boolean isKnown = mode == AT_LEAST || bodies.is(id, Bodies.EXPANDED);
+                if (isKnown && !bodies.is(id, Bodies.ON_PATH)) return id;
             }
             return NONE;
         }
 
-        /** Takes back the last guess on which the clash depends, and those behind it. */
-        private void goBack() {
-            boolean isHigh = guessed > LAST_BIT && conflict >> LAST_BIT != 0;
-            int at = isHigh ? guessed - 1 : LAST_BIT + 1 - Long.numberOfLeadingZeros(conflict);
-            if (guessed == 0 || at < 0) {
-                end(subject == goal ? NO_WAY : ONE);
-                return;
+        /** One to which it came back; NONE if there is none. */
+        private int openOnPath() {
+            for (int i = 0; i < chains.opened(); i++) {
+                if (bodies.is(chains.openAt(i), Bodies.ON_PATH)) return chains.openAt(i);
             }
-            int row = at * ROW;
-            long others = at <= LAST_BIT ? conflict & ~bit(at) : conflict;
-            if (others == 0) {
-                blamed = at;
-                phase = LEAVE_OUT;
-                return;
-            }
-            undo((int) guesses[row + AHEAD]);
-            for (int i = 0; i < at; i++) {
-                if (guesses[i * ROW + SEEN] > at) guesses[i * ROW + SEEN] = 0;
-            }
-            conflict = others | guesses[row + CONFLICT];
-            guesses[row + CONFLICT] = conflict;
-            boolean hasMore = guesses[row + UNTRIED] != 0;
-            guessed = hasMore ? at + 1 : at;
-            if (hasMore) phase = GUESS;
+            return NONE;
         }
 
-        /** A body that does not go whatever else is guessed is left out for good, and all guesses begin anew. */
-        private void leaveOut(int at) {
-            int decider = instances.follow((int) guesses[at * ROW + GUESSED]);
-            int out = Instances.origin(instances.map(), (int) guesses[at * ROW + TRIED]);
-            undo((int) guesses[AHEAD]);
-            int set = instances.set(decider) & ~out;
-            if (at > 0) untested |= tested;
-            instances.restrict(decider);
-            guessed = 0;
-            phase = SPREAD;
-            if (set == 0) clash(0);
-            else narrow(decider, set, 0);
+        private void guess(int id) {
+            bodies.startLevel();
+            narrow(id, Bodies.preferred(bodies.setOf(id)), GUESS);
+        }
+
+        /** Whether one needs not be judged: it follows, or is judged elsewhere, or it may have any body. */
+        private boolean isJudged(int place) {
+            int id = bodies.idAt(place);
+            if (bodies.place(id) != place || bodies.reason(place) == FOLLOWS_ALONE || !bodies.isDecided(id)) return true;
+            return mode == AT_LEAST && !bodies.is(id, Bodies.EXPANDED);
+        }
+
+        /** Judges whether the body of one follows from the others. */
+        private void judge() {
+            if ((bodies.setOf(one) & look.set()) == 0) {
+                clash(CLASHED);
+                return;
+            }
+            int next = isAlone() ? NONE : nextOpen();
+            if (next != NONE) {
+                enter(next);
+            } else if (Bodies.isSingle(look.set())) {
+                if (aimed < aimCount) aimed++;
+                else judged++;
+                phase = AIM;
+            } else {
+                block();
+            }
+        }
+
+        // ---- clashes
+
+        /** Nothing more can be found for one, as that is not known on which it depends: so its guesses are taken back. */
+        private void block() {
+            isCut = true;
+            clash(BLOCKED);
+        }
+
+        /** Looks once more at the one that clashes, to hear why. */
+        private void clash(int next) {
+            phase = next;
+            nogoods.begin(bodies.level());
+            look.begin(one, bodies.trailed(), next == BLOCKED);
+        }
+
+        /** Takes what is heard as literals. */
+        private void hear(int time) {
+            for (int i = 0; i < chains.heard(); i++) {
+                nogoods.add(chains.heardAt(i), bodies.setBefore(chains.heardAt(i), time));
+            }
+        }
+
+        private void startBack(int set) {
+            if (chains.isPartial() || (bodies.setOf(one) & ~set) != 0) {
+                end(UNKNOWN);
+                return;
+            }
+            hear(bodies.trailed());
+            nogoods.add(one, set);
+            place = bodies.trailed();
+            phase = LEAD_BACK;
+        }
+
+        /** Leads the last literal back to those from which it follows, until just one of the last level is left. */
+        private void leadBack() {
+            if (nogoods.atTop() == 0) {
+                int highest = nogoods.highest(NONE);
+                if (highest == 0) {
+                    end(isCut ? UNKNOWN : NO_WAY);
+                    return;
+                }
+                bodies.undoLevels(highest);
+                nogoods.putTop(highest);
+                place = bodies.trailed();
+            }
+            place--;
+            while (place >= 0 && !isNeeded(place)) {
+                place--;
+            }
+            if (place < 0) {
+                end(UNKNOWN);
+                return;
+            }
+            int id = bodies.idAt(place);
+            literal = nogoods.setOf(id);
+            int reason = bodies.reason(place);
+            if (nogoods.atTop() == 1) {
+                learn(id);
+            } else if (reason == GUESS) {
+                end(UNKNOWN);
+            } else {
+                nogoods.remove(id);
+                if (reason >= NOGOOD) {
+                    leadByNogood(id, reason - NOGOOD);
+                } else {
+                    one = id;
+                    phase = LED_BACK;
+                    look.begin(id, place, false);
+                }
+            }
+        }
+
+        /** Whether a literal holds from a place of the trail on. */
+        private boolean isNeeded(int place) {
+            int id = bodies.idAt(place);
+            return nogoods.isLiteral(id) && (bodies.oldSet(place) & ~nogoods.setOf(id)) != 0;
+        }
+
+        private void leadByNogood(int id, int nogood) {
+            for (int i = nogoods.start(nogood); i < nogoods.start(nogood + 1); i++) {
+                int set = nogoods.setAt(i);
+                nogoods.add(nogoods.idAt(i), nogoods.idAt(i) == id ? set | literal : set);
+            }
+        }
+
+        private void ledBack() {
+            int others = literal | Bodies.ALL & ~look.set();
+            if (chains.isPartial() || (bodies.oldSet(place) & ~others) != 0) {
+                end(UNKNOWN);
+                return;
+            }
+            hear(place);
+            nogoods.add(one, others);
+            phase = LEAD_BACK;
+        }
+
+        /** Keeps what does not go together, goes back, and rules out that one of it. */
+        private void learn(int id) {
+            int back = nogoods.highest(id);
+            bodies.undoLevels(back);
+            int set = bodies.setOf(id) & ~literal;
+            int nogood = back == 0 ? 0 : nogoods.kept();
+            nogoods.clear();
+            edge = 0;
+            aimed = 0;
+            if (nogood == NONE) {
+                // There is no room: all guesses begin anew.
+                bodies.undoLevels(0);
+                nogoods.forget();
+                if (++restarts > MOST_RESTARTS) end(UNKNOWN);
+                else phase = AIM;
+            }
+            spread = bodies.trailed();
+            judged = Math.min(judged, spread);
+            if (set == 0) end(UNKNOWN);
+            else if (nogood != NONE) narrow(id, set, back == 0 ? GUESS : NOGOOD + nogood);
         }
     }
 
@@ -3776,32 +3901,35 @@ public final class Overloadery {
         private final Hierarchy hierarchy;
         private final Templates templates;
         private final Functions functions;
-        private final Look look;
+        private final Bodies bodies;
+        private final Chains chains;
         private int count;
         private final int[] arguments = new int[Functions.EACH];
         private final char[] categories = new char[Functions.EACH];
-        /** The places of the types of the parameters of the function that was looked at last. */
+        /** The types of the parameters of the function that was looked at last. */
         private final int[] taken = new int[Functions.EACH];
+        private final int[] line = new int[Chains.STEPS];
         private final int[] ways = new int[Functions.FUNCTIONS * Functions.EACH];
         private final boolean[] areSure = new boolean[Functions.FUNCTIONS * Functions.EACH];
         private final boolean[] areCandidates = new boolean[Functions.FUNCTIONS];
         private final boolean[] areViable = new boolean[Functions.FUNCTIONS];
 
-        Call(Types types, Hierarchy hierarchy, Templates templates, Functions functions, Look look) {
+        Call(Types types, Hierarchy hierarchy, Templates templates, Functions functions, Bodies bodies, Chains chains) {
             this.types = types;
             this.hierarchy = hierarchy;
             this.templates = templates;
             this.functions = functions;
-            this.look = look;
+            this.bodies = bodies;
+            this.chains = chains;
         }
 
         int count() {
             return count;
         }
 
-        /** The place of the type of an argument. */
+        /** The number of the type of an argument. */
         int argument(int at) {
-            return arguments[at] * Types.WIDTH;
+            return arguments[at];
         }
 
         int put(int type, char category) {
@@ -3814,11 +3942,6 @@ public final class Overloadery {
             int before = count;
             count = 0;
             return before;
-        }
-
-        /** The place of what was deduced for a parameter in the function that was looked at last, NONE for nothing. */
-        int boundPlace(int parameter) {
-            return types.bound[Types.DEDUCED * PARAMETERS + parameter];
         }
 
         // ---- candidates
@@ -3877,10 +4000,8 @@ public final class Overloadery {
                 int way = ways[function * Functions.EACH + other];
                 return areSure[function * Functions.EACH + other] ? way : -1 - way;
             }
-            int place = boundPlace(other);
-            if (place == NONE) return NOTHING;
-            types.pack(place);
-            return Instances.mixed(types.first, types.second, types.third) >>> 1;
+            int deduced = types.bound[Types.DEDUCED * PARAMETERS + other];
+            return deduced == NONE ? NOTHING : deduced;
         }
 
         private int viableCount() {
@@ -3899,20 +4020,21 @@ public final class Overloadery {
             types.empty(Types.DEDUCED);
             for (int i = 0; i < count; i++) {
                 int told = functions.told(function, i);
-                taken[i] = types.isOpen(told) ? matched(told, i) : told * Types.WIDTH;
+                taken[i] = types.isOpen(told) ? matched(told, types.id(arguments[i])) : types.id(told);
                 if (taken[i] == NONE) return;
             }
-            if (!look.areMet(Types.DEDUCED, Functions.constraintSet(function))) return;
+            if (!chains.areMet(Types.DEDUCED, Functions.constraintSet(function))) return;
             for (int i = 0; i < count; i++) {
                 int way = directWay(function, i);
                 int conversions = 0;
                 boolean isMadeFor = way == NONE && functions.mode(function, i) != 'r';
-                if (isMadeFor) way = valueWay(argument(i), taken[i]);
+                int type = types.id(arguments[i]);
+                if (isMadeFor) way = valueWay(type, taken[i]);
                 for (int j = 0; j < 2 * Hierarchy.TOLD && isMadeFor && way == NONE; j++) {
-                    int told = conversion(argument(i), taken[i], j);
-                    int from = j < Hierarchy.TOLD ? argument(i) : told;
+                    int told = conversion(type, taken[i], j);
+                    int from = j < Hierarchy.TOLD ? type : told;
                     int to = j < Hierarchy.TOLD ? told : taken[i];
-                    if (told != NONE && (types.isSame(from, to) || valueWay(from, to) != NONE)) conversions++;
+                    if (told != NONE && (from == to || valueWay(from, to) != NONE)) conversions++;
                 }
                 if (conversions > 0) way = 3 * RANK;
                 if (way == NONE) return;
@@ -3922,18 +4044,17 @@ public final class Overloadery {
             areViable[function] = true;
         }
 
-        /** The place of a type that is told for a conversion, those from which a class can be made first; or NONE. */
+        /** The type that is told for a conversion, those from which a class can be made first; or NONE. */
         private int conversion(int from, int to, int at) {
             boolean isFrom = at < Hierarchy.TOLD;
-            int head = types.tokens[isFrom ? to : from];
+            int head = types.headOf(isFrom ? to : from);
             int place = isFrom ? at : at - Hierarchy.TOLD;
             if (!Types.isClass(head) || place >= hierarchy.conversions(head - Types.CLASS, isFrom)) return NONE;
-            return hierarchy.conversionAt(head - Types.CLASS, isFrom, place) * Types.WIDTH;
+            return types.id(hierarchy.conversionAt(head - Types.CLASS, isFrom, place));
         }
 
-        /** The place of the type that a pattern takes: that of the argument, or the only one of its bases that matches. */
-        private int matched(int pattern, int at) {
-            int type = argument(at);
+        /** The type that a pattern takes: that of the argument, or the only one of its bases that matches. */
+        private int matched(int pattern, int type) {
             if (triesPattern(pattern, type)) {
                 types.copyFrame(Types.TRIED, Types.DEDUCED);
                 return type;
@@ -3941,18 +4062,16 @@ public final class Overloadery {
             if (!Types.isInstance(types.head(pattern))) return NONE;
             int only = NONE;
             int base = type;
-            for (int step = 0; step < Look.STEPS && Types.isInstance(types.tokens[base]); step++) {
-                base = look.baseAt(base, look.supposedOf(look.setAt(base)), Types.LINE + step);
+            for (int step = 0; step < Chains.STEPS && Types.isInstance(types.headOf(base)); step++) {
+                base = bodies.baseAt(base, chains.supposedBody(base));
                 if (base == NONE || isInLine(base, step)) break;
+                line[step] = base;
                 if (triesPattern(pattern, base)) {
                     if (only != NONE) return NONE;
                     only = base;
                 }
             }
             if (only == NONE) return NONE;
-            // Another argument's bases may be written there, so the one that is taken is kept elsewhere.
-            types.copyRow(only, Types.TAKEN + at);
-            only = (Types.TAKEN + at) * Types.WIDTH;
             triesPattern(pattern, only);
             types.copyFrame(Types.TRIED, Types.DEDUCED);
             return only;
@@ -3960,14 +4079,14 @@ public final class Overloadery {
 
         private boolean isInLine(int base, int length) {
             for (int i = 0; i < length; i++) {
-                if (types.isSame((Types.LINE + i) * Types.WIDTH, base)) return true;
+                if (line[i] == base) return true;
             }
             return false;
         }
 
-        private boolean triesPattern(int pattern, int place) {
+        private boolean triesPattern(int pattern, int type) {
             types.copyFrame(Types.DEDUCED, Types.TRIED);
-            return types.matches(Types.TRIED, pattern, NONE, place);
+            return types.matches(Types.TRIED, pattern, NONE, type, NONE);
         }
 
         /** How an argument comes without a value that is made for it. */
@@ -3978,16 +4097,22 @@ public final class Overloadery {
             if (mode == 'r' && category != 'l') return NONE;
             boolean isAlone = Types.isParameter(types.head(functions.told(function, at)));
             if (mode == 'm' && !isGoing && !isAlone) return NONE;
-            int steps = look.steps(argument(at), taken[at]);
+            int steps = stepsTo(types.id(arguments[at]), taken[at]);
             if (steps < 0) return NONE;
             boolean isWorse = mode == 'm' ? !isGoing : mode != 'r' && category != 'k';
             return (steps == 0 ? 0 : 2 * RANK + 2 * steps) + (isWorse ? 1 : 0);
         }
 
+        /** The steps from a type to a base; something is supposed only if it matters. */
+        private int stepsTo(int type, int base) {
+            int steps = chains.stepsByAll(type, base);
+            return steps == Chains.OPEN_STEPS ? chains.stepsSupposed(type, base) : steps;
+        }
+
         /** How a type comes to another one by a value that is made, but for the conversions of classes. */
         private int valueWay(int from, int to) {
-            int head = types.tokens[from];
-            int target = types.tokens[to];
+            int head = types.headOf(from);
+            int target = types.headOf(to);
             if (Types.isBasic(head)) {
                 if (!Types.isBasic(target) || head == target) return NONE;
                 boolean isGrowing = head == Types.TRUTH || head == Types.LETTER;
@@ -3996,7 +4121,7 @@ public final class Overloadery {
             if (head != Types.POINTER) return NONE;
             if (target == Types.TRUTH) return 2 * RANK + TO_TRUTH;
             if (target != Types.POINTER) return NONE;
-            int steps = look.steps(from + 1, to + 1);
+            int steps = stepsTo(types.first(from), types.first(to));
             return steps > 0 ? 2 * RANK + 2 * steps : NONE;
         }
 
@@ -4054,233 +4179,162 @@ public final class Overloadery {
         }
     }
 
-    /** What a walk is to go through yet, in queues of which the first come first, and what it has noted as met. */
+    /**
+     * What is to be gone through yet. The first one can be taken from all that was put here, the last one, or one of the
+     * smallest: each is in the row of all, and in the row of its size.
+     */
     private static final class Frontier {
-        private static final int FEW = 1 << 6;
-        private static final int MORE = 5;
-        private static final int MOST_NOTED = 1 << 19;
-        private static final int MOST_PENDING = 1 << 15;
+        /** Which one is taken. */
+        static final int ORDERS = 3;
+        static final int FIRST = 0;
+        static final int LAST = 1;
+        static final int SMALLEST = 2;
 
-        /** One that is pending: the three words of its type, the third one with how long its line is; and the next one. */
-        private static final int NEXT = 3;
-        private static final int ROW = 4;
-        private static final int RUN_AT = 32;
-        private static final long THIRD = (1L << RUN_AT) - 1;
+        /** An entry: for each of both rows a word, which tells its id and size, and the entries ahead of it and behind it. */
+        private static final int ENTRY = 2;
+        private static final int SIZE_AT = 21;
+        private static final int AHEAD_AT = 26;
+        private static final int BEHIND_AT = 44;
+        private static final long LINK = (1 << 18) - 1;
+        static final int MOST = 1 << 17;
+        private static final int FEW = 1 << 5;
+        private static final int MORE = 4;
 
-        private long[] pending = new long[FEW * ROW];
-        private int used;
-        /** The one that was put last, and the one that was taken last. */
-        private int last;
-        /** The first and the last one of each queue; those that are used no longer are in the queue behind the others. */
-        private final int[] firsts;
-        private final int[] lasts;
-        private boolean isForked;
-        /** Numbers that tell apart what was met; each round has numbers of its own. */
-        private long[] noted = new long[FEW];
+        private final Types types;
+        /** The place 0 is no entry. */
+        private long[] entries = new long[FEW * ENTRY];
+        private int used = 1;
+        private int free;
         private int count;
-        private int round;
+        /** The first and the last entry of each row; that of all comes first, and then those of the sizes. */
+        private final int[] firsts = new int[Types.LARGEST + 1];
+        private final int[] lasts = new int[Types.LARGEST + 1];
+        private int sizes;
 
-        Frontier(int queues) {
-            firsts = new int[(queues > 0 ? queues : 1) + 1];
-            lasts = new int[(queues > 0 ? queues : 1) + 1];
+        Frontier(Types types) {
+            this.types = types;
         }
 
-        /** Forgets all. */
+        int count() {
+            return count;
+        }
+
         void clear() {
-            if (count > 0) Arrays.fill(noted, 0);
+            used = 1;
+            free = 0;
             count = 0;
-            isForked = false;
-            startRound();
+            sizes = 0;
+            Arrays.fill(firsts, 0);
+            Arrays.fill(lasts, 0);
         }
 
-        void startRound() {
-            round++;
-            used = 0;
-            Arrays.fill(firsts, NONE);
-            Arrays.fill(lasts, NONE);
-        }
-
-        /** Whether there was ever more than one that was pending. */
-        boolean isForked() {
-            return isForked;
-        }
-
-        void fork() {
-            isForked = true;
-        }
-
-        /** Puts a type into a queue, as the first or the last one; false if there is no room. */
-        boolean puts(long one, long two, long three, int queue, boolean isAhead) {
-            int free = firsts.length - 1;
-            int at = firsts[free];
-            if (at != NONE) firsts[free] = (int) pending[at * ROW + NEXT];
-            else at = used < MOST_PENDING ? used++ : NONE;
-            last = at;
-            if (at == NONE) return false;
-            if ((at + 1) * ROW > pending.length) {
-                pending = Arrays.copyOf(pending, Math.min(MOST_PENDING * ROW, pending.length << MORE));
+        /** Puts a type as the last one; false if there is no room. */
+        boolean puts(int id) {
+            int at = free;
+            if (at != 0) {
+                free = (int) (entries[at * ENTRY] >> BEHIND_AT & LINK);
+            } else if (used < MOST) {
+                at = used++;
+                if (used * ENTRY > entries.length) {
+                    entries = Arrays.copyOf(entries, Math.min(MOST * ENTRY, entries.length << MORE));
+                }
+            } else {
+                return false;
             }
-            pending[at * ROW] = one;
-            pending[at * ROW + 1] = two;
-            pending[at * ROW + 2] = three;
-            if (used > 1) isForked = true;
-            boolean isFirst = isAhead || firsts[queue] == NONE;
-            pending[at * ROW + NEXT] = isFirst ? firsts[queue] : NONE;
-            if (isFirst) firsts[queue] = at;
-            else pending[lasts[queue] * ROW + NEXT] = at;
-            if (!isFirst || lasts[queue] == NONE) lasts[queue] = at;
+            int size = types.sizeOf(id);
+            entries[at * ENTRY] = id | (long) size << SIZE_AT;
+            entries[at * ENTRY + 1] = entries[at * ENTRY];
+            append(at, 0, 0);
+            append(at, 1, size);
+            sizes |= 1 << size;
+            count++;
             return true;
         }
 
-        /** Notes how long the line of the one is that was put last. */
-        void lengthen(int run) {
-            if (last != NONE) pending[last * ROW + 2] |= (long) run << RUN_AT;
+        private void append(int at, int word, int row) {
+            int last = lasts[row];
+            lasts[row] = at;
+            entries[at * ENTRY + word] |= (long) last << AHEAD_AT;
+            if (last == 0) firsts[row] = at;
+            else entries[last * ENTRY + word] |= (long) at << BEHIND_AT;
         }
 
-        /** Takes the first one of a queue, or else of the next one; tells the queue, NONE if there is nothing in any. */
-        int takes(int from) {
-            int queues = firsts.length - 1;
-            int queue = from;
-            for (int i = 0; i < queues && firsts[queue] == NONE; i++) {
-                queue = queue + 1 == queues ? 0 : queue + 1;
+        private void remove(int at, int word, int row) {
+            long entry = entries[at * ENTRY + word];
+            int ahead = (int) (entry >> AHEAD_AT & LINK);
+            int behind = (int) (entry >> BEHIND_AT & LINK);
+            if (ahead == 0) firsts[row] = behind;
+            else entries[ahead * ENTRY + word] = entries[ahead * ENTRY + word] & ~(LINK << BEHIND_AT) | (long) behind << BEHIND_AT;
+            if (behind == 0) lasts[row] = ahead;
+            else entries[behind * ENTRY + word] = entries[behind * ENTRY + word] & ~(LINK << AHEAD_AT) | (long) ahead << AHEAD_AT;
+        }
+
+        /** Takes one; NONE if there is none. */
+        int takes(int order) {
+            if (count == 0) return NONE;
+            int smallest = Integer.numberOfTrailingZeros(sizes);
+            int at = order == FIRST ? firsts[0] : order == LAST ? lasts[0] : firsts[smallest];
+            int id = (int) entries[at * ENTRY] & Types.ID;
+            int size = (int) (entries[at * ENTRY] >> SIZE_AT) & Types.TOKEN;
+            remove(at, 0, 0);
+            remove(at, 1, size);
+            if (firsts[size] == 0) sizes &= ~(1 << size);
+            entries[at * ENTRY] = (long) free << BEHIND_AT;
+            free = at;
+            count--;
+            return id;
+        }
+
+        /** Takes over the new ids of types. */
+        void moveIds() {
+            int at = firsts[0];
+            for (int i = 0; i < count; i++) {
+                long id = types.moved((int) entries[at * ENTRY] & Types.ID);
+                entries[at * ENTRY] = entries[at * ENTRY] & ~(long) Types.ID | id;
+                entries[at * ENTRY + 1] = entries[at * ENTRY + 1] & ~(long) Types.ID | id;
+                at = (int) (entries[at * ENTRY] >> BEHIND_AT & LINK);
             }
-            int at = firsts[queue];
-            if (at == NONE) return NONE;
-            last = at;
-            firsts[queue] = (int) pending[at * ROW + NEXT];
-            if (firsts[queue] == NONE) lasts[queue] = NONE;
-            pending[at * ROW + NEXT] = firsts[queues];
-            firsts[queues] = at;
-            return queue;
-        }
-
-        boolean hasSome(int queue) {
-            return firsts[queue] != NONE;
-        }
-
-        /** A word of the one that was taken. */
-        long word(int at) {
-            return pending[last * ROW + at] & (at == 2 ? THIRD : NONE);
-        }
-
-        int run() {
-            return (int) (pending[last * ROW + 2] >> RUN_AT);
-        }
-
-        /** A number of a type in this round. */
-        long number(long one, long two, long three) {
-            long number = Instances.mixed(one, two, three ^ (long) round << RUN_AT);
-            return number == 0 ? 1 : number;
-        }
-
-        boolean isNoted(long number) {
-            int mask = noted.length - 1;
-            int at = (int) number & mask;
-            for (int i = 0; i <= mask && noted[at] != 0; i++) {
-                if (noted[at] == number) return true;
-                at = at + 1 & mask;
-            }
-            return false;
-        }
-
-        void note(long number) {
-            if (isFull()) {
-                // There is no room: another one is forgotten, and may be met again.
-                noted[(int) number & noted.length - 1] = number;
-                return;
-            }
-            if (count > noted.length - noted.length / 4 && noted.length < MOST_NOTED) grow();
-            enter(number);
-            count++;
-        }
-
-        private void enter(long number) {
-            int mask = noted.length - 1;
-            int at = (int) number & mask;
-            for (int i = 0; i <= mask && noted[at] != 0; i++) {
-                at = at + 1 & mask;
-            }
-            noted[at] = number;
-        }
-
-        private void grow() {
-            long[] before = noted;
-            noted = new long[Math.min(MOST_NOTED, before.length << MORE)];
-            for (int i = 0; i < before.length; i++) {
-                if (before[i] != 0) enter(before[i]);
-            }
-        }
-
-        boolean isFull() {
-            return count > MOST_NOTED - MOST_NOTED / 8;
-        }
-
-        /** Whether there is much room to note yet. */
-        boolean hasRoom() {
-            return count < MOST_NOTED / 2;
         }
     }
 
     /**
      * Looks up the namespaces of the classes that are met by way of the arguments: in them, and in the bases of the
-     * instances in them, and so on. As there may be very many of these, it goes only so far at a level, in several orders.
+     * instances in them, and so on. Each type is gone through once. It goes on now with those that were met first, now with
+     * those that were met last, and now with the smallest ones, as long as there is room to note all; then with each of
+     * these alone.
      */
     private static final class Walk {
-        /** The orders: first what was met first, what is smallest, what was met last. */
-        static final int ORDERS = 3;
-        private static final int SMALLEST = 1;
-        private static final int LATEST = 2;
-
-        private static final int STEPS = 1 << 8;
-        private static final int FARTHER = 3;
-        /** How far it goes at last if there is never a choice. */
-        private static final int LINE_STEPS = 1 << 26;
-        private static final int LOOKS = 1 << 14;
-        private static final int MORE_LOOKS = 2;
-        /** How many in a line may be met without being noted, also if there is less room; after how many a body is found. */
-        private static final int RUN = 16;
-        private static final int LONG_RUN = 1 << 8;
         private static final int TURN = 16;
-        private static final int MOST_UNKNOWN = 64;
-        /** How many bodies are assumed at once, and how often. */
-        static final int DEPTH = 4;
-        private static final int MOST_RUNS = 1 << 9;
-
-        /** Behind the queues of the sizes are those of the instances whose bodies are to be found, by levels. */
-        private static final int OPEN = Types.LARGEST + 1;
-        private static final int QUEUES = OPEN + Descent.LEVELS;
-        private static final int WORDS = 3;
+        /** With so few that are pending it is worth while to forget which ones were met, if there is no room to note more. */
+        private static final int FEW_PENDING = 1 << 10;
+        private static final int MOST_STEPS = 1 << 24;
+        private static final int MIXED = Frontier.ORDERS;
 
         private final Types types;
         private final Hierarchy hierarchy;
         private final Templates templates;
-        private final Instances instances;
-        private final Look look;
+        private final Bodies bodies;
+        private final Explorer explorer;
+        private final Frontier frontier;
+        private final int[] stack = new int[Types.LARGEST * 2];
         /** The classes that were asked for, those that are not met yet; the namespaces of those that were; all as bits. */
         private int asked;
         private int wanted;
         private int found;
-        private int level;
         private int order;
         private int steps;
-        private int others;
-        private int runs;
-        private int assumed;
-        private int openLevel;
-        private boolean isCut;
-        private final Frontier frontier = new Frontier(QUEUES);
-        /** The instances in a type whose bases are pending, told by their numbers. */
-        private final long[] sources = new long[Types.LARGEST];
-        private int sourceCount;
-        private final long[] unknown = new long[MOST_UNKNOWN * WORDS];
-        private int unknowns;
+        private int last;
+        private boolean hasSkipped;
+        /** Whether an order came to its end, as there was no room. */
+        private boolean isOut;
 
-        Walk(Types types, Hierarchy hierarchy, Templates templates, Instances instances, Look look) {
+        Walk(Types types, Hierarchy hierarchy, Templates templates, Bodies bodies, Explorer explorer, Frontier frontier) {
             this.types = types;
             this.hierarchy = hierarchy;
             this.templates = templates;
-            this.instances = instances;
-            this.look = look;
+            this.bodies = bodies;
+            this.explorer = explorer;
+            this.frontier = frontier;
         }
 
         /** Begins to look up classes, told as bits; what can be met by way of the arguments must be known. */
@@ -4288,6 +4342,7 @@ public final class Overloadery {
             asked = classes;
             wanted = classes;
             found = 0;
+            start(MIXED);
         }
 
         /** The namespaces of the classes that were met, as bits. */
@@ -4300,74 +4355,120 @@ public final class Overloadery {
             return wanted != 0;
         }
 
-        /** Whether nothing was left out. */
-        boolean isDone() {
-            return !isCut;
-        }
-
-        /** Whether there was a choice where to go on, so that another order may lead elsewhere. */
-        boolean isForked() {
-            return frontier.isForked();
-        }
-
-        int openLevel() {
-            return openLevel;
-        }
-
-        void start(int level, int order) {
-            this.level = level;
+        /** Begins to go through types in an order. */
+        private void start(int order) {
             this.order = order;
-            unknowns = 0;
-            others = 0;
-            runs = 0;
-            steps = 0;
-            isCut = false;
+            last = steps + MOST_STEPS;
+            isOut = false;
+            clear();
+            unmarkAll(Types.NOTED | Types.PENDING);
+        }
+
+        private void clear() {
             frontier.clear();
+            hasSkipped = false;
         }
 
-        /** How often may be looked at instances on the way. */
-        int mostLooks() {
-            return LOOKS << MORE_LOOKS * level;
+        private void unmarkAll(long marks) {
+            for (int id = 0; id < types.count; id++) {
+                types.nodes[id] &= ~marks;
+            }
         }
 
-        void put(int place) {
-            int size = types.ends[place] - place;
-            types.pack(place);
-            int queue = order == SMALLEST ? size : 0;
-            if (!frontier.puts(types.first, types.second, types.third, queue, order == LATEST)) isCut = true;
+        /** Begins anew, as what was chosen was forgotten. */
+        void startAnew() {
+            bodies.unmarkAll(Bodies.WAITING);
+            bodies.keepWaiting();
+            begin(asked);
         }
 
-        /** Puts the instance that was packed last among those whose bodies are to be found, at a level. */
-        private void putOpen(int level) {
-            frontier.fork();
-            if (!frontier.puts(types.first, types.second, types.third, OPEN + level, false)) isCut = true;
-        }
-
-        /**
-         * Takes the next one into a row, and tells whether there is one. Now and then it is an instance whose body must be
-         * found, even if there are others.
-         */
-        private boolean takes() {
-            int queue = frontier.takes(steps % TURN == 0 ? OPEN : 0);
-            if (queue == NONE) return false;
-            types.unpack(frontier.word(0), frontier.word(1), frontier.word(2), Types.WALKED);
-            openLevel = queue >= OPEN ? queue - OPEN : NONE;
-            steps++;
-            others++;
+        /** Begins to go on in the next order, if something was left out in this one; false if there is none. */
+        boolean startsNext() {
+            if (!isOut || order == 0) return false;
+            start(order - 1);
             return true;
         }
 
-        // ---- what was met
+        void put(int id) {
+            if ((types.nodes[id] & (Types.NOTED | Types.PENDING)) != 0) return;
+            types.nodes[id] |= Types.PENDING;
+            if (!frontier.puts(id)) hasSkipped = true;
+        }
+
+        /** Whether there is nothing to go on with. */
+        boolean isIdle() {
+            return frontier.count() == 0 && !hasSkipped;
+        }
+
+        /** Goes through so many types at most. */
+        void goOn(int most) {
+            for (int i = 0; i < most && wanted != 0; i++) {
+                if (!explorer.makeRoom() && !forgets()) return;
+                if (steps > last) {
+                    isOut = true;
+                    clear();
+                }
+                int id = takes();
+                if (id == NONE) return;
+                scan(id);
+            }
+        }
+
+        /** Forgets what was met to make room; if this is not worth while, this order is at its end. */
+        private boolean forgets() {
+            boolean areFew = frontier.count() <= FEW_PENDING && !hasSkipped;
+            unmarkAll(areFew ? Types.NOTED : Types.NOTED | Types.PENDING);
+            if (!areFew) clear();
+            explorer.retry();
+            boolean hasRoom = explorer.makeRoom();
+            if (!hasRoom || !areFew) isOut = true;
+            if (!hasRoom) clear();
+            return hasRoom && areFew;
+        }
+
+        private int takes() {
+            if (frontier.count() == 0 && hasSkipped) putSkipped();
+            int id = frontier.takes(order == MIXED ? steps / TURN % Frontier.ORDERS : order);
+            if (id != NONE) types.nodes[id] &= ~Types.PENDING;
+            return id;
+        }
+
+        /** Puts those for which there was no room. */
+        private void putSkipped() {
+            hasSkipped = false;
+            for (int id = 0; id < types.count && !hasSkipped; id++) {
+                boolean isPending = (types.nodes[id] & (Types.NOTED | Types.PENDING)) == Types.PENDING;
+                if (isPending && !frontier.puts(id)) hasSkipped = true;
+            }
+        }
+
+        /** Goes through a type: to the classes in it, and to the bases of the instances in it. */
+        private void scan(int type) {
+            int top = 1;
+            stack[0] = type;
+            for (int i = 0; i < stack.length && top > 0; i++) {
+                int id = stack[--top];
+                long node = types.nodes[id];
+                if ((node & Types.NOTED) != 0) continue;
+                types.nodes[id] = node | Types.NOTED;
+                steps++;
+                int head = (int) node & Types.TOKEN;
+                if (Types.isClass(head)) meet(head - Types.CLASS);
+                if (head >= Types.TWOFOLD) stack[top++] = types.second(id);
+                if (head >= Types.POINTER) stack[top++] = types.first(id);
+                boolean isBehind = head >= Types.SINGLE && (templates.classesBehind(Types.templateOf(head)) & wanted) != 0;
+                if (isBehind && !goesBehind(id)) {
+                    bodies.addGoal(id, Bodies.WAITING);
+                    explorer.put(id);
+                }
+            }
+        }
 
         private void meet(int cls) {
             int all = hierarchy.allBases(cls);
             for (int i = 0; i < hierarchy.count(); i++) {
                 if ((all >> i & 1) == 1) found |= 1 << hierarchy.namespace(i);
             }
-            findWanted();
-        }
-
-        private void findWanted() {
             wanted = 0;
             for (int i = 0; i < hierarchy.count(); i++) {
                 boolean isAsked = (asked >> i & 1) == 1;
@@ -4375,165 +4476,45 @@ public final class Overloadery {
             }
         }
 
-        // ---- the walk
-
-        private boolean mayGoOn() {
-            if (wanted == 0 || frontier.isFull() && order != LATEST) return false;
-            boolean isLine = level == Descent.LEVELS - 1 && !frontier.isForked();
-            return steps < (isLine ? LINE_STEPS : STEPS << FARTHER * level);
-        }
-
-        /** Goes on until the body of an instance must be found, and tells whether one must. */
-        boolean goesOn() {
-            for (int i = 0; i < LINE_STEPS && mayGoOn(); i++) {
-                if (!takes()) {
-                    others = 0;
-                    return false;
-                }
-                if (openLevel != NONE) return true;
-                scan(frontier.run());
+        /** Puts the base of an instance; false if it may have several ones. */
+        private boolean goesBehind(int id) {
+            int bodiesLeft = bodies.setOf(id);
+            int base = bodies.baseAt(id, Bodies.code(bodiesLeft));
+            bodiesLeft &= bodiesLeft - 1;
+            while (bodiesLeft != 0) {
+                if (bodies.baseAt(id, Bodies.code(bodiesLeft)) != base) return false;
+                bodiesLeft &= bodiesLeft - 1;
             }
-            isCut = true;
-            others = 0;
-            for (int i = unknowns; i < MOST_UNKNOWN / 2 && frontier.hasSome(OPEN); i++) {
-                frontier.takes(OPEN);
-                noteUnknown(frontier.word(0), frontier.word(1), frontier.word(2));
+            if (types.isShort()) {
+                // It is to be gone through once more when there is room.
+                types.nodes[id] &= ~Types.NOTED;
+                base = id;
             }
-            return false;
-        }
-
-        private void noteUnknown(long one, long two, long three) {
-            isCut = true;
-            if (unknowns == MOST_UNKNOWN) return;
-            unknown[unknowns * WORDS] = one;
-            unknown[unknowns * WORDS + 1] = two;
-            unknown[unknowns * WORDS + 2] = three;
-            unknowns++;
-        }
-
-        /** Takes an instance whose body could not be found into a row, and tells its place. */
-        private int unknownAt(int at) {
-            types.unpack(unknown[at * WORDS], unknown[at * WORDS + 1], unknown[at * WORDS + 2], Types.WALKED);
-            return Types.WALKED * Types.WIDTH;
-        }
-
-        /** The words of the instance whose body must be found. */
-        void packOpen() {
-            types.pack(Types.WALKED * Types.WIDTH);
-        }
-
-        /** Goes on from the instance whose body was looked for. */
-        void goFromOpen() {
-            sourceCount = 0;
-            int place = Types.WALKED * Types.WIDTH;
-            if (goesBehind(place)) return;
-            types.pack(place);
-            if (openLevel < level) putOpen(openLevel + 1);
-            else noteUnknown(types.first, types.second, types.third);
-        }
-
-        /**
-         * Meets what is met whatever body an instance has whose body could not be found: each one is assumed, and with it
-         * what follows for others. There may be such ones again, so this calls itself, so often at most.
-         */
-        void meetAnyway(int depth) {
-            int end = unknowns;
-            for (int i = 0; i < end && wanted != 0 && runs < MOST_RUNS; i++) {
-                int before = found;
-                int common = NONE;
-                int decider = deciderOf(i);
-                int bodies = decider == NONE ? 0 : look.deciding();
-                for (int body = 0; body < Instances.BODIES && (common & ~before) != 0; body++) {
-                    if ((bodies >> body & 1) == 0) continue;
-                    runs++;
-                    assumed++;
-                    instances.putDepth(assumed);
-                    instances.putSet(decider, 1 << body);
-                    found = before;
-                    findWanted();
-                    goAround(end);
-                    if (depth > 1) meetAnyway(depth - 1);
-                    unknowns = end;
-                    common &= found;
-                    instances.forgetAssumed(NONE, 0, 0);
-                    assumed--;
-                    instances.putDepth(assumed);
-                }
-                found = common == NONE ? before : before | common;
-                findWanted();
-            }
-        }
-
-        /** The instance that decides which body an unknown one has; NONE if this is known. */
-        private int deciderOf(int at) {
-            if (Instances.isSingle(look.setAt(unknownAt(at)))) return NONE;
-            if (look.decider() != NONE) return look.decider();
-            instances.makeRoom();
-            return instances.put(types.first, types.second, types.third, look.deciding());
-        }
-
-        /** Goes from the first unknown ones as far as it can go without bodies that must be found. */
-        private void goAround(int end) {
-            frontier.startRound();
-            steps = 0;
-            for (int i = 0; i < end; i++) {
-                goesBehind(unknownAt(i));
-            }
-            int most = STEPS << FARTHER * level;
-            int last = Math.min(most, others + (most >> FARTHER));
-            for (int i = others; i < last && others < last && mayGoOn() && takes(); i++) {
-                if (openLevel == NONE) scan(frontier.run());
-                else noteUnknown(frontier.word(0), frontier.word(1), frontier.word(2));
-            }
-        }
-
-        /** Goes through a type: to the classes in it, and to the bases of the instances in it. */
-        private void scan(int run) {
-            int from = Types.WALKED * Types.WIDTH;
-            sourceCount = 0;
-            int opened = 0;
-            for (int place = from; place < types.ends[from]; place++) {
-                int token = types.tokens[place];
-                if (Types.isClass(token)) meet(token - Types.CLASS);
-                if (!Types.isInstance(token)) continue;
-                if ((templates.classesBehind(Types.templateOf(token)) & wanted) == 0) continue;
-                types.pack(place);
-                long number = frontier.number(types.first, types.second, types.third);
-                steps++;
-                others++;
-                if (frontier.isNoted(number)) continue;
-                sources[sourceCount] = number;
-                if (!goesBehind(place)) {
-                    frontier.note(number);
-                    types.pack(place);
-                    putOpen(0);
-                    opened++;
-                }
-            }
-            boolean isLine = sourceCount == 1 && opened == 0 && run < (frontier.hasRoom() ? RUN : LONG_RUN);
-            for (int i = 0; i < sourceCount && !isLine; i++) {
-                frontier.note(sources[i]);
-            }
-            if (isLine) frontier.lengthen(run + 1);
-        }
-
-        /** Queues the base of an instance; false if it may have several ones, so that its body must be found. */
-        private boolean goesBehind(int place) {
-            int bodies = look.setAt(place);
-            int base = NONE;
-            boolean isFirst = true;
-            for (int i = 0; i < Instances.BODIES; i++) {
-                if ((bodies >> i & 1) == 0) continue;
-                int other = look.baseAt(place, i, isFirst ? Types.OTHER : Types.OTHER + 1);
-                if (isFirst) base = other;
-                boolean isSame = base == NONE ? other == NONE : other != NONE && types.isSame(base, other);
-                if (!isSame) return false;
-                isFirst = false;
-            }
-            if (base == NONE) return true;
-            put(base);
-            sourceCount++;
+            if (base != NONE) put(base);
             return true;
+        }
+
+        // ---- those whose bodies must be found first
+
+        /** Goes on from those of whose bodies something was found. */
+        void wake() {
+            for (int i = 0; i < explorer.woken(); i++) {
+                wake(explorer.wokenAt(i));
+            }
+            explorer.clearWoken();
+        }
+
+        private void wake(int id) {
+            if (id < Types.POINTER || !bodies.is(id, Bodies.WAITING)) return;
+            if (goesBehind(id)) bodies.unmark(id, Bodies.WAITING);
+        }
+
+        /** Goes on from all of whose bodies enough is known, and tells how many wait yet. */
+        int wakeAll() {
+            for (int i = 0; i < bodies.goals(); i++) {
+                wake(bodies.goal(i));
+            }
+            return bodies.keepWaiting();
         }
     }
 
