@@ -436,7 +436,8 @@ public final class Overloadery {
      * answers differ, these are looked for, and where there is a choice, they are chosen so that they go together.
      */
     private long answer(int kind, int one, int two) {
-        if (kind < BEST) beginQuestion();
+        if (kind < BEST) explorer.begin();
+        isAside = false;
         long answer = 0;
         int level = 0;
         for (int round = 0; round < ROUNDS; round++) {
@@ -469,11 +470,6 @@ public final class Overloadery {
             else level++;
         }
         return answer;
-    }
-
-    private void beginQuestion() {
-        explorer.begin();
-        isAside = false;
     }
 
     /** What is asked of an instance, or of two types, for what is supposed. */
@@ -551,7 +547,8 @@ public final class Overloadery {
 
     /** Finds the candidates of the call of a name. */
     private void gather(int namespace, int name) {
-        beginQuestion();
+        explorer.begin();
+        isAside = false;
         call.beginCandidates(namespace, name);
         int contents = 0;
         for (int i = 0; i < call.count(); i++) {
@@ -921,14 +918,18 @@ public final class Overloadery {
             int at = place;
             for (int i = pattern; i < ends[pattern]; i++) {
                 int token = tokens[i];
-                if (!isParameter(token)) {
+                if (token < PARAMETER || token >= POINTER) {
                     if (tokens[at++] != token) return false;
                     continue;
                 }
                 int known = special[token - PARAMETER];
+                int length = ends[at] - at;
                 if (known == NONE) special[token - PARAMETER] = at;
-                else if (!isSame(known, at)) return false;
-                at = ends[at];
+                else if (ends[known] - known != length) return false;
+                for (int j = 0; j < length && known != NONE; j++) {
+                    if (tokens[known + j] != tokens[at + j]) return false;
+                }
+                at += length;
             }
             return true;
         }
