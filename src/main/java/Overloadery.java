@@ -1840,6 +1840,8 @@ public final class Overloadery {
         private int freeEdge;
         private long[] trail = new long[FEW];
         private int trailed;
+        /** The lowest id of those of whom something was undone. */
+        private int lowestUndone;
         private int[] levels = new int[FEW];
         private int level;
         /** The instances whose bodies are asked for. */
@@ -1981,6 +1983,10 @@ public final class Overloadery {
 
         boolean is(int id, long mark) {
             return (types.infos[id] & mark) != 0;
+        }
+
+        boolean areBoth(int id, long marks) {
+            return (types.infos[id] & marks) == marks;
         }
 
         void mark(int id, long mark) {
@@ -2165,6 +2171,7 @@ public final class Overloadery {
                 trailed--;
                 long place = trail[trailed];
                 int id = (int) place & Types.ID;
+                if (id < lowestUndone) lowestUndone = id;
                 long info = types.infos[id] & (1L << PLACE_AT) - 1 & ~(long) ALL;
                 types.infos[id] = info | place >> OLD_AT & ALL | (place >> BEFORE_AT & Types.ID) << PLACE_AT;
             }
@@ -2186,6 +2193,13 @@ public final class Overloadery {
             }
             trailed = 0;
             level = 0;
+        }
+
+        /** The lowest id of those of whom something was undone since that was asked last. */
+        int lowestUndone() {
+            int lowest = lowestUndone;
+            lowestUndone = Types.ID;
+            return lowest;
         }
 
         int level() {
@@ -3418,13 +3432,14 @@ public final class Overloadery {
         private int one;
         private int spread;
         private int edge;
-        /** Those from whom it goes on, the last one first; those for whom it is to find bodies; and how far it came. */
+        /** Those from whom it goes on, the last one first. */
         private int[] path = new int[FEW];
         private int height;
-        private int[] aims = new int[FEW];
-        private int aimCount;
+        /** The only one for whom it is to find a body, if there is one; how far it came with all, and with judging. */
+        private int only;
         private int aimed;
         private int judged;
+        private int judgedStrict;
         /** The place of the trail that is led back, and the bodies to which the one was narrowed there. */
         private int place;
         private int literal;
@@ -3475,28 +3490,35 @@ public final class Overloadery {
             spread = 0;
             edge = 0;
             height = 0;
-            aimCount = 0;
-            aimed = 0;
+            this.only = only;
+            aimed = mode == FOR_ALL ? Types.POINTER : 0;
             judged = 0;
+            judgedStrict = mode == FOR_ALL ? Types.POINTER : types.count;
             restarts = 0;
             isCut = false;
-            if (only != NONE) putAim(only);
-            for (int i = 0; i < bodies.goals() && only == NONE && mode != FOR_ALL; i++) {
-                putAim(bodies.goal(i));
-            }
-            for (int id = Types.POINTER; id < types.count && mode == FOR_ALL; id++) {
-                if (bodies.is(id, Bodies.EXPANDED)) putAim(id);
-            }
         }
 
-        private void putAim(int id) {
-            if (!bodies.isOpen(id)) return;
-            if (aimCount == MOST_PATH) {
-                end(UNKNOWN);
-                return;
+        /** The next one that must have a body, NONE if there is none. */
+        private int nextAim() {
+            if (only != NONE) return bodies.isDecided(only) ? NONE : only;
+            if (mode != FOR_ALL) {
+                while (aimed < bodies.goals() && bodies.isDecided(bodies.goal(aimed))) {
+                    aimed++;
+                }
+                return aimed < bodies.goals() ? bodies.goal(aimed) : NONE;
             }
-            if (aimCount == aims.length) aims = Arrays.copyOf(aims, Math.min(MOST_PATH, aimCount << MORE));
-            aims[aimCount++] = id;
+            while (aimed < types.count && (!bodies.is(aimed, Bodies.EXPANDED) || bodies.isDecided(aimed))) {
+                aimed++;
+            }
+            return aimed < types.count ? aimed : NONE;
+        }
+
+        /** The next one to judge of those who rule something out; NONE if there is none. */
+        private int nextStrict() {
+            while (judgedStrict < types.count && !bodies.areBoth(judgedStrict, Bodies.STRICT | Bodies.EXPANDED)) {
+                judgedStrict++;
+            }
+            return judgedStrict < types.count ? judgedStrict : NONE;
         }
 
         private void end(int what) {
@@ -3598,15 +3620,18 @@ public final class Overloadery {
             while (height > 0 && bodies.isDecided(path[height - 1])) {
                 bodies.unmark(path[--height], Bodies.ON_PATH);
             }
-            while (aimed < aimCount && !bodies.isOpen(aims[aimed])) {
-                aimed++;
+            if (height > 0) {
+                lookAt(path[height - 1], DESCENDED);
+                return;
             }
-            if (height > 0) lookAt(path[height - 1], DESCENDED);
-            else if (aimed < aimCount && bodies.isDecided(aims[aimed])) lookAt(aims[aimed], JUDGED);
-            else if (aimed < aimCount) enter(aims[aimed]);
-            else if (judged == bodies.trailed()) end(FOUND);
-            else if (isJudged(judged)) judged++;
-            else lookAt(bodies.idAt(judged), JUDGED);
+            int aim = nextAim();
+            boolean isLast = aim == NONE && judged == bodies.trailed();
+            int strict = isLast ? nextStrict() : NONE;
+            if (aim != NONE) enter(aim);
+            else if (!isLast && isJudged(judged)) judged++;
+            else if (!isLast) lookAt(bodies.idAt(judged), JUDGED);
+            else if (strict != NONE) lookAt(strict, JUDGED);
+            else end(FOUND);
         }
 
         private void enter(int id) {
@@ -3671,8 +3696,8 @@ public final class Overloadery {
             if (next != NONE) {
                 enter(next);
             } else if (Bodies.isSingle(look.set())) {
-                if (aimed < aimCount) aimed++;
-                else judged++;
+                if (judged < bodies.trailed()) judged++;
+                else judgedStrict++;
                 phase = AIM;
             } else {
                 block();
@@ -3782,8 +3807,6 @@ public final class Overloadery {
             int set = bodies.setOf(id) & ~literal;
             int nogood = back == 0 ? 0 : nogoods.kept();
             nogoods.clear();
-            edge = 0;
-            aimed = 0;
             if (nogood == NONE) {
                 // There is no room: all guesses begin anew.
                 bodies.undoLevels(0);
@@ -3791,10 +3814,18 @@ public final class Overloadery {
                 if (++restarts > MOST_RESTARTS) end(UNKNOWN);
                 else phase = AIM;
             }
-            spread = bodies.trailed();
-            judged = Math.min(judged, spread);
+            goBack();
             if (set == 0) end(UNKNOWN);
             else if (nogood != NONE) narrow(id, set, back == 0 ? GUESS : NOGOOD + nogood);
+        }
+
+        /** Goes on from what is left when something was undone. */
+        private void goBack() {
+            edge = 0;
+            spread = bodies.trailed();
+            judged = Math.min(judged, spread);
+            aimed = mode == FOR_ALL ? Math.min(aimed, bodies.lowestUndone()) : 0;
+            judgedStrict = mode == FOR_ALL ? Types.POINTER : types.count;
         }
     }
 
@@ -4197,7 +4228,7 @@ public final class Overloadery {
         private static final int AHEAD_AT = 26;
         private static final int BEHIND_AT = 44;
         private static final long LINK = (1 << 18) - 1;
-        static final int MOST = 1 << 17;
+        private static final int MOST = 1 << 16;
         private static final int FEW = 1 << 5;
         private static final int MORE = 4;
 

@@ -266,6 +266,10 @@ final class Model {
 
     /** What is chosen is remembered until forget(), as it would be looked for far too often otherwise. */
     private int chosen(Type instance) {
+        if (fixed != null) {
+            if (!fixed.containsKey(instance)) isBeyond = true;
+            return fixed.getOrDefault(instance, -2);
+        }
         Integer before = remembered.get(instance);
         if (before != null) return before;
         int found = chosenAnew(instance);
@@ -310,6 +314,70 @@ final class Model {
             if (isBest) return own;
         }
         return -2;
+    }
+
+    // ---- ways, each of which tells the bodies of all instances that come about
+
+    /** If it is told, answers go by this way. */
+    private Map<Type, Integer> fixed;
+    private final Set<Type> world = new LinkedHashSet<>();
+    private final List<Map<Type, Integer>> ways = new ArrayList<>();
+
+    /** Finds all ways for the types with numbers, the types in them, their bases, and all on which these depend. */
+    int findWays(int mostInstances, int mostTries) {
+        forget();
+        world.clear();
+        ways.clear();
+        ArrayDeque<Type> queue = new ArrayDeque<>();
+        for (Type type : types) {
+            if (!type.isOpen()) queue.add(type);
+        }
+        Set<Type> seen = new HashSet<>();
+        while (!queue.isEmpty()) {
+            Type type = queue.poll();
+            if (!seen.add(type)) continue;
+            queue.addAll(type.parts);
+            if (type.kind != 'i') continue;
+            world.add(type);
+            if (world.size() > mostInstances) return -1;
+            for (int body = -2; body < templates.get(type.number).specialisations.size(); body++) {
+                Type base = fits(type, body) ? base(type, body) : null;
+                if (base != null) queue.add(base);
+            }
+        }
+        way.clear();
+        tries = 0;
+        choose(new ArrayList<>(world), 0, mostTries);
+        boolean isOver = tries > mostTries;
+        way.clear();
+        forget();
+        return isOver ? -1 : ways.size();
+    }
+
+    private void choose(List<Type> all, int at, int mostTries) {
+        if (++tries > mostTries || ways.size() > 200) {
+            tries = mostTries + 1;
+            return;
+        }
+        if (at == all.size()) {
+            ways.add(new HashMap<>(way));
+            return;
+        }
+        Type type = all.get(at);
+        for (int body = -2; body < templates.get(type.number).specialisations.size(); body++) {
+            if (!fits(type, body)) continue;
+            way.put(type, body);
+            boolean isGood = true;
+            for (Type other : way.keySet()) isGood = isGood && goes(other);
+            if (isGood) choose(all, at + 1, mostTries);
+            way.remove(type);
+        }
+    }
+
+    /** Lets all answers go by one of the ways, or by none. */
+    void fix(int which) {
+        forget();
+        fixed = which < 0 ? null : ways.get(which);
     }
 
     // ---- circles
