@@ -464,7 +464,7 @@ public final class Overloadery {
             explorer.run(LOOKS << FARTHER * level);
             if (bodies.areDecided()) continue;
             boolean isLast = level == LEVELS;
-            int found = foundWay(LOOKS << FARTHER * level, isLast);
+            int found = foundWay(explorer.isIdle() || isLast ? LOOKS << FARTHER * level : LOOKS << FARTHER * level >> FARTHER, isLast);
             if (found == Search.FOUND) continue;
             if (isLast || found == Search.NO_WAY && explorer.isIdle()) settleGoals(LOOKS << FARTHER * level);
             else level++;
@@ -706,7 +706,8 @@ public final class Overloadery {
         static final int FIRST_AT = 10;
         static final int SECOND_AT = 31;
         static final int ID = (1 << 21) - 1;
-        private static final int ID_BITS = 21;
+        private static final int SPOT = 32;
+        private static final long FIRST_SPOT = (1L << SPOT) - 1;
         private static final long TYPE = (1L << 52) - 1;
         static final long NOTED = 1L << 52;
         static final long PENDING = 1L << 53;
@@ -716,11 +717,12 @@ public final class Overloadery {
         static final int LITERAL_AT = 57;
 
         /** No bounds of the document, but of the room in which the program lives: it grows by these stages. */
-        private static final int MOST = 1_600_000;
+        private static final int MOST = 1_450_000;
         private static final int STAGES = 4;
         private static final int[] CAPACITIES = {1 << 11, 1 << 14, 1 << 17, MOST};
         private static final int SPARE = 1 << 15;
         private static final int FEW = 1 << 9;
+        private static final int NARROW = 1 << 17;
         private static final long MIX = 0x9E3779B97F4A7C15L;
         private static final long MIX_MORE = 0xBF58476D1CE4E5B9L;
 
@@ -733,12 +735,16 @@ public final class Overloadery {
         final int[] bound = new int[FRAMES * PARAMETERS];
         private final int[] special = new int[PARAMETERS];
         private final int[] stack = new int[LARGEST * 2];
-        /** For each id its word, and what is known of its bodies; and where each word is found, three ids in a place. */
+        /**
+         * For each id its word, and what is known of its bodies; and where ids are found: two spots in a place, each with an
+         * id and some bits by which most other words are told apart.
+         */
         long[] nodes = new long[CAPACITIES[0]];
         long[] infos = new long[CAPACITIES[0]];
-        private long[] index = new long[CAPACITIES[0] / 2];
+        private long[] index = new long[CAPACITIES[0] / 4 * 3];
         /** The ids that are told are lower. */
         int count = POINTER;
+        private int limit = CAPACITIES[0];
         private int stage;
         private boolean isShort;
 
@@ -960,23 +966,22 @@ public final class Overloadery {
             long node = head | (long) size << SIZE_AT | (long) one << FIRST_AT | (long) other << SECOND_AT;
             long mixed = node * MIX;
             mixed = (mixed ^ mixed >>> 32) * MIX_MORE;
-            int spots = index.length * 3;
+            int spots = limit / 4 * 6;
             int at = (int) ((mixed >>> 33) * spots >>> 31);
-            int shift = 0;
+            int others = (int) mixed & ~ID;
             for (int i = 0; i < spots; i++) {
-                shift = at % 3 * ID_BITS;
-                int id = (int) (index[at / 3] >>> shift) & ID;
-                if (id == 0) break;
-                if ((nodes[id] & TYPE) == node) return id;
+                int spot = (int) (index[at >> 1] >>> (at & 1) * SPOT);
+                if (spot == 0) break;
+                if ((spot & ~ID) == others && (nodes[spot & ID] & TYPE) == node) return spot & ID;
                 at = at + 1 == spots ? 0 : at + 1;
             }
-            if (count == nodes.length) {
+            if (count == limit) {
                 isShort = true;
                 return NONE;
             }
             nodes[count] = node;
             infos[count] = 0;
-            index[at / 3] |= (long) count << shift;
+            index[at >> 1] |= ((count | others) & FIRST_SPOT) << (at & 1) * SPOT;
             return count++;
         }
 
@@ -1043,20 +1048,20 @@ public final class Overloadery {
         /** Makes room for as many as may come about at once, and tells whether there is. */
         boolean makeRoom() {
             isShort = false;
-            int most = nodes.length;
-            if (most - count >= Math.min(SPARE, most >> 1)) return true;
-            if (stage + 1 == STAGES) return most - count >= SPARE;
+            if (limit - count >= Math.min(SPARE, limit >> 1)) return true;
+            if (stage + 1 == STAGES) return false;
             stage++;
-            nodes = Arrays.copyOf(nodes, CAPACITIES[stage]);
-            infos = Arrays.copyOf(infos, CAPACITIES[stage]);
-            index = new long[CAPACITIES[stage] / 2];
+            limit = CAPACITIES[stage];
+            nodes = Arrays.copyOf(nodes, limit);
+            infos = Arrays.copyOf(infos, limit);
+            index = new long[limit / 4 * 3];
             enterAll();
             return true;
         }
 
         /** Whether there is some room yet. */
         boolean hasSome() {
-            return nodes.length - count >= FEW;
+            return limit - count >= FEW;
         }
 
         /** Whether so much is kept that it is not worth while to go on. */
@@ -1069,21 +1074,23 @@ public final class Overloadery {
         }
 
         private void enterAll() {
-            int spots = index.length * 3;
+            int spots = limit / 4 * 6;
             for (int id = POINTER; id < count; id++) {
                 long mixed = (nodes[id] & TYPE) * MIX;
                 mixed = (mixed ^ mixed >>> 32) * MIX_MORE;
                 int at = (int) ((mixed >>> 33) * spots >>> 31);
-                for (int i = 0; i < spots && ((int) (index[at / 3] >>> at % 3 * ID_BITS) & ID) != 0; i++) {
+                for (int i = 0; i < spots && (int) (index[at >> 1] >>> (at & 1) * SPOT) != 0; i++) {
                     at = at + 1 == spots ? 0 : at + 1;
                 }
-                index[at / 3] |= (long) id << at % 3 * ID_BITS;
+                int others = (int) mixed & ~ID;
+                index[at >> 1] |= ((id | others) & FIRST_SPOT) << (at & 1) * SPOT;
             }
         }
 
         /** Forgets all ids. */
         void forget() {
-            if (count > POINTER) Arrays.fill(index, 0);
+            if (count > POINTER) Arrays.fill(index, 0, limit / 4 * 3, 0);
+            limit = nodes.length;
             Arrays.fill(ids, NONE);
             for (int i = 0; i < POINTER; i++) {
                 nodes[i] &= TYPE;
@@ -1108,13 +1115,13 @@ public final class Overloadery {
                 nodes[first(id)] |= KEPT;
                 nodes[second(id)] |= KEPT;
             }
-            Arrays.fill(index, 0);
+            Arrays.fill(index, 0, limit / 4 * 3, 0);
             int left = POINTER;
             for (int id = POINTER; id < count; id++) {
                 if ((nodes[id] & KEPT) == 0) continue;
                 long parts = (long) moved(first(id)) << FIRST_AT | (long) moved(second(id)) << SECOND_AT;
                 long others = nodes[id] & ~KEPT & ~((long) ID << FIRST_AT | (long) ID << SECOND_AT);
-                index[id / 3] |= (long) left << id % 3 * ID_BITS;
+                index[id >> 1] |= (long) left << (id & 1) * SPOT;
                 nodes[left] = others | parts;
                 infos[left++] = infos[id];
             }
@@ -1129,12 +1136,16 @@ public final class Overloadery {
 
         /** The new id of a type, 0 if it was shed. */
         int moved(int id) {
-            return id < POINTER ? id : (int) (index[id / 3] >>> id % 3 * ID_BITS) & ID;
+            return id < POINTER ? id : (int) (index[id >> 1] >>> (id & 1) * SPOT) & ID;
         }
 
-        /** Lets all types be found again after some were shed. */
-        void remember() {
-            Arrays.fill(index, 0);
+        /**
+         * Lets all types be found again after some were shed. If there is to be little room, these are found faster, and are
+         * shed more often.
+         */
+        void remember(boolean isNarrow) {
+            Arrays.fill(index, 0, limit / 4 * 3, 0);
+            limit = isNarrow ? Math.min(nodes.length, Math.max(NARROW, count * 4)) : nodes.length;
             enterAll();
         }
     }
@@ -1831,10 +1842,15 @@ public final class Overloadery {
         static final int MOST_LEVELS = 1 << 16;
         static final int MOST_GOALS = 1 << 17;
         private static final int MOST_SUPPOSED = 40;
+        private static final int RECENT = 1 << 8;
+        static final int NOT_KEPT = -2;
 
         private final Types types;
         private final Templates templates;
         private final int[] parts = new int[Types.LARGEST * 2];
+        /** The bases that were asked for last. */
+        private final int[] recent = new int[RECENT];
+        private final int[] recentBases = new int[RECENT];
         private long[] edges = new long[FEW];
         private int edgeCount = 1;
         private int freeEdge;
@@ -1911,6 +1927,21 @@ public final class Overloadery {
         boolean isOpen(int id) {
             int set = (int) types.infos[id] & ALL;
             return set == 0 || (set & set - 1) != 0 || (types.infos[id] & STRICT) != 0;
+        }
+
+        /** The base of an instance with a body if it was kept; NOT_KEPT if it was not. */
+        int keptBase(int id, int body) {
+            int asked = id * CODES + body;
+            int slot = asked & RECENT - 1;
+            return recent[slot] == asked ? recentBases[slot] : NOT_KEPT;
+        }
+
+        /** Keeps the base of an instance with a body, as the same ones are asked for again and again. */
+        void keepBase(int id, int body, int base) {
+            int asked = id * CODES + body;
+            int slot = asked & RECENT - 1;
+            recent[slot] = asked;
+            recentBases[slot] = base;
         }
 
         /** The base of an instance with a body; NONE if it has none. */
@@ -2118,6 +2149,7 @@ public final class Overloadery {
 
         /** Takes over the new ids of instances. */
         void moveIds() {
+            Arrays.fill(recent, 0);
             for (int i = 1; i < edgeCount; i++) {
                 edges[i] = edges[i] & ~(long) Types.ID | types.moved(target(i));
             }
@@ -2323,6 +2355,7 @@ public final class Overloadery {
 
         /** Forgets all; to be called when types are forgotten. */
         void forget() {
+            Arrays.fill(recent, 0);
             edgeCount = 1;
             freeEdge = 0;
             goalCount = 0;
@@ -2467,9 +2500,13 @@ public final class Overloadery {
                     depth--;
                 }
                 if (depth == 0) return found == 1 << NO ? NO : found == 1 << YES ? YES : OPEN;
-                int body = left[depth - 1] & -left[depth - 1];
-                left[depth - 1] -= body;
-                at = bodies.baseAt(way[depth - 1], Bodies.code(body));
+                int body = Bodies.code(left[depth - 1]);
+                left[depth - 1] &= left[depth - 1] - 1;
+                at = bodies.keptBase(way[depth - 1], body);
+                if (at == Bodies.NOT_KEPT) {
+                    at = bodies.baseAt(way[depth - 1], body);
+                    if (!types.isShort()) bodies.keepBase(way[depth - 1], body, at);
+                }
             }
             isPartial = true;
             return OPEN;
@@ -2531,9 +2568,9 @@ public final class Overloadery {
                     depth--;
                 }
                 if (depth == 0) return found;
-                int body = left[depth - 1] & -left[depth - 1];
-                left[depth - 1] -= body;
-                at = bodies.baseAt(way[depth - 1], Bodies.code(body));
+                int body = Bodies.code(left[depth - 1]);
+                left[depth - 1] &= left[depth - 1] - 1;
+                at = bodies.baseAt(way[depth - 1], body);
             }
             return OPEN_STEPS;
         }
@@ -2701,13 +2738,14 @@ public final class Overloadery {
         private boolean isDense;
         private boolean isBusy;
         private boolean isFresh;
-        /** The next specialisation, those that fit and may fit, how often something was supposed. */
+        /** The specialisations that are left, that fit, that may fit; the same for whatever is supposed; how often it was. */
         private int template;
-        private int next;
+        private int rest;
         private int sure;
         private int maybe;
+        private int sureAnyway;
+        private int maybeAnyway;
         private int run;
-        private int heardBefore;
         /** Whether there is no body for something that was supposed of others; the bodies that are found for that. */
         private boolean isStrict;
         private int group;
@@ -2780,29 +2818,31 @@ public final class Overloadery {
             if (line == 0) chains.begin(time);
             isFresh = false;
             template = Types.templateOf(types.headOf(at));
-            heardBefore = chains.heard();
             run = 0;
             byOpen = 0;
-            chains.clearOpen();
-            beginRun();
-        }
-
-        private void beginRun() {
-            next = 0;
             sure = 0;
             maybe = 0;
+            rest = (1 << templates.specialisations(template)) - 1;
+            chains.clearOpen();
+        }
+
+        /** Begins to look what follows from what is supposed now, for those that may fit. */
+        private void beginRun() {
+            sure = sureAnyway;
+            maybe = 0;
+            rest = maybeAnyway;
         }
 
         /** Goes on by a step. */
         void goOn() {
             if (isFresh) beginAt();
-            int rest = (1 << templates.specialisations(template)) - (1 << next);
             int possible = templates.possible(template, sure, maybe | rest);
             if (rest == 0 || Bodies.isSingle(possible)) {
                 endRun(possible);
                 return;
             }
-            int specialisation = next++;
+            int specialisation = Bodies.code(rest);
+            rest &= rest - 1;
             int pattern = templates.pattern(template, specialisation, 0);
             int second = templates.pattern(template, specialisation, 1);
             types.empty(Types.FITTING);
@@ -2833,10 +2873,10 @@ public final class Overloadery {
                 set = possible;
                 group = 0;
                 isStrict = false;
+                sureAnyway = sure;
+                maybeAnyway = maybe;
                 if (at == own) least = templates.possible(template, sure, 0);
-                int heard = chains.heard();
                 if (!Bodies.isSingle(possible) && chains.supposesFirst(at)) {
-                    if (!isWhole) chains.keepHeard(heardBefore, heard);
                     set = 0;
                     isStrict = !chains.isAllSupposed();
                     run++;
@@ -2868,10 +2908,10 @@ public final class Overloadery {
 
         /** Goes on along the line if just one is open, and it is none of those that are kept. */
         private boolean goesAlong() {
-            if (Bodies.isSingle(set) || byOpen == 0 || chains.opened() != 1 || line == LINE) return false;
+            if (Bodies.isSingle(set) || byOpen == 0 || chains.opened() != 1) return false;
             int other = chains.openAt(0);
             if (other == at || other == own || bodies.is(other, Bodies.MEMBER | Bodies.GOAL)) return false;
-            if ((types.mixed(other) & KEPT - 1) == 0 || !types.hasSome()) return false;
+            if (line == LINE || !types.hasSome() || (types.mixed(other) & KEPT - 1) == 0) return false;
             long all = 0;
             for (int i = 0; i < Bodies.CODES; i++) {
                 int set = (int) (byOpen >> i * Bodies.CODES) & Bodies.ALL;
@@ -3210,7 +3250,7 @@ public final class Overloadery {
             for (int i = 0; i < wokenCount; i++) {
                 woken[i] = types.moved(woken[i]);
             }
-            types.remember();
+            types.remember(look.isDense());
         }
     }
 
