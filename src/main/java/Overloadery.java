@@ -34,18 +34,22 @@ public final class Overloadery {
     private static final int LEVELS = 4;
     private static final int LOOKS_ASIDE = 1 << 14;
     private static final int MOST_LOOKS = 1 << 22;
+    private static final int ALL_LOOKS = 1 << 24;
     /** How far a walk goes in a turn, how often is looked in it, also if nothing else goes on, and how many turns there are. */
     private static final int TURN = 64;
-    private static final int LOOKS_OF_TURN = 64;
+    private static final int LOOKS_OF_TURN = 1 << 11;
     private static final int LOOKS_ALONE = 1 << 12;
     private static final int TURNS = 1 << 24;
     /** What is tried to find bodies that go together: also for those that have numbers, for all, for the goals. */
     private static final int ASIDE = 0;
-    private static final int TOGETHER = 1;
-    private static final int GOALS = 2;
-    private static final int ANEW = 3;
-    private static final int GOALS_ANEW = 4;
-    private static final int AT_LEAST = 5;
+    private static final int ASIDE_ANEW = 1;
+    private static final int TOGETHER = 2;
+    private static final int GOALS = 3;
+    private static final int ANEW = 4;
+    private static final int GOALS_ANEW = 5;
+    private static final int AT_LEAST = 6;
+    private static final int DONE = 7;
+    private static final int TRIES = 1 << 6;
 
     private final Types table;
     private final Hierarchy hierarchy;
@@ -463,8 +467,10 @@ public final class Overloadery {
             explorer.putGoals();
             explorer.run(LOOKS << FARTHER * level);
             if (bodies.areDecided()) continue;
-            boolean isLast = level == LEVELS;
-            int found = foundWay(explorer.isIdle() || isLast ? LOOKS << FARTHER * level : LOOKS << FARTHER * level >> FARTHER, isLast);
+            boolean isLast = level == LEVELS || look.looks() > ALL_LOOKS;
+            // Where not all is known yet it is looked for a way with less effort.
+            int less = explorer.isIdle() || isLast ? 0 : FARTHER;
+            int found = foundWay(LOOKS << FARTHER * level >> less, true, isLast);
             if (found == Search.FOUND) continue;
             if (isLast || found == Search.NO_WAY && explorer.isIdle()) settleGoals(LOOKS << FARTHER * level);
             else level++;
@@ -496,50 +502,69 @@ public final class Overloadery {
     }
 
     /**
-     * Finds bodies for the goals that go together; if all on whom they depend are known, for these and those that have
-     * numbers as well, as long as there is a way. What was chosen earlier is forgotten if it does not go with them.
+     * Finds bodies for the goals that go together. In a wide way, if all on whom the goals depend are known, they go with
+     * those that have numbers and their bases as well, as long as there is a way. What was chosen earlier is forgotten if it
+     * does not go with them.
      */
-    private int foundWay(int limit, boolean isLast) {
+    private int foundWay(int limit, boolean isWide, boolean isLast) {
         int found = Search.UNKNOWN;
-        boolean isRevoked = false;
-        for (int step = ASIDE; step <= AT_LEAST && found != Search.FOUND; step++) {
-            boolean isDue = step == GOALS || step == GOALS_ANEW && isRevoked || step == AT_LEAST && isLast;
-            if (step == ASIDE && explorer.isIdle() && !isAside) {
-                isAside = true;
-                explorer.putNumbered();
-                explorer.run(LOOKS_ASIDE);
-                isDue = explorer.isIdle();
-                if (!isDue) {
-                    explorer.putAnew();
-                    explorer.run(limit);
-                }
-            } else if (step == TOGETHER) {
-                if (found == Search.NO_WAY) {
-                    explorer.putAnew();
-                    explorer.run(limit);
-                }
-                isDue = explorer.isIdle();
-            } else if (step == ANEW && found == Search.NO_WAY && explorer.revokes()) {
-                isRevoked = true;
-                explorer.run(limit);
-                isDue = explorer.isIdle();
+        boolean isDue = false;
+        boolean isAhead = isWide && !isAside && explorer.isIdle();
+        int step = isAhead ? ASIDE : isWide ? TOGETHER : GOALS;
+        isAside = isAside || isAhead;
+        for (int i = 0; i < TRIES && step < DONE; i++) {
+            switch (step) {
+                case ASIDE:
+                    isDue = explorer.putsNumbered() || found != Search.FOUND;
+                    if (isDue) explorer.run(LOOKS_ASIDE);
+                    break;
+                case ASIDE_ANEW:
+                case ANEW:
+                    isDue = found == Search.NO_WAY && explorer.revokes();
+                    if (isDue) explorer.run(limit);
+                    break;
+                case TOGETHER:
+                    isDue = true;
+                    if (isAhead) explorer.dropNumbered();
+                    if (isAhead) explorer.run(limit);
+                    break;
+                default:
+                    isDue = step != AT_LEAST || isLast;
             }
-            if (!isDue) continue;
-            explorer.makeRoom();
-            boolean isForAll = step == ASIDE || step == TOGETHER || step == ANEW;
-            found = search.run(isForAll ? Search.FOR_ALL : step == AT_LEAST ? Search.AT_LEAST : Search.FOR_GOALS, NONE, limit);
+            int mode = step == AT_LEAST ? Search.AT_LEAST : step < GOALS || step == ANEW ? Search.FOR_ALL : Search.FOR_GOALS;
+            isDue = isDue && (mode != Search.FOR_ALL || explorer.isIdle());
+            if (isDue) {
+                explorer.makeRoom();
+                found = search.run(mode, NONE, limit);
+            }
+            step = nextStep(step, isDue, found == Search.FOUND);
         }
         return found;
     }
 
+    /** What is tried next to find bodies that go together. */
+    private static int nextStep(int step, boolean wasDue, boolean isFound) {
+        switch (step) {
+            case ASIDE:
+                return wasDue ? isFound ? ASIDE : ASIDE_ANEW : isFound ? DONE : TOGETHER;
+            case ASIDE_ANEW:
+                return wasDue && isFound ? ASIDE : TOGETHER;
+            case ANEW:
+                return wasDue ? isFound ? DONE : GOALS_ANEW : AT_LEAST;
+            default:
+                return isFound ? DONE : step + 1;
+        }
+    }
+
     /** Finds a body for each goal by itself; one for which none goes is not sure. */
     private void settleGoals(int limit) {
+        int each = limit / Math.max(1, bodies.goals());
         for (int i = 0; i < bodies.goals(); i++) {
             explorer.makeRoom();
             int goal = bodies.goal(i);
             if (bodies.isDecided(goal)) continue;
-            int found = search.run(Search.FOR_GOALS, goal, limit);
-            if (found == Search.UNKNOWN) found = search.run(Search.AT_LEAST, goal, limit);
+            int found = search.run(Search.FOR_GOALS, goal, each);
+            if (found == Search.UNKNOWN) found = search.run(Search.AT_LEAST, goal, each);
             int set = found == Search.NO_WAY ? 1 << Bodies.UNSURE : Bodies.preferred(bodies.setOf(goal));
             if (found != Search.FOUND) bodies.settle(goal, set);
         }
@@ -558,9 +583,13 @@ public final class Overloadery {
         walk.begin(call.wantedClasses(name));
         putArguments();
         int revoked = 0;
+        int woken = walk.woken();
+        int last = MOST_LOOKS;
         for (int turn = 0; turn < TURNS && walk.lacksSome(); turn++) {
             walk.goOn(TURN);
-            boolean mayLook = look.looks() < MOST_LOOKS;
+            if (walk.woken() > woken) last = look.looks() + MOST_LOOKS;
+            woken = walk.woken();
+            boolean mayLook = look.looks() < Math.min(last, ALL_LOOKS);
             if (mayLook) explorer.run(walk.isIdle() ? LOOKS_ALONE : LOOKS_OF_TURN);
             if (explorer.revoked() > revoked) {
                 revoked = explorer.revoked();
@@ -573,8 +602,10 @@ public final class Overloadery {
             explorer.makeRoom();
             int waiting = walk.wakeAll();
             if (!walk.isIdle()) continue;
+            if (waiting > 0 && look.looks() > ALL_LOOKS) break;
             if (waiting > 0) {
-                int found = foundWay(MOST_LOOKS, !explorer.isIdle());
+                boolean isWide = !isAside || explorer.revoked() > 0;
+                int found = foundWay(MOST_LOOKS, isWide, !explorer.isIdle());
                 if (found != Search.FOUND) settleGoals(LOOKS_ASIDE);
                 continue;
             }
@@ -1821,6 +1852,7 @@ public final class Overloadery {
         static final long CHANGED = 1L << 18;
         /** Whether an instance has no body for some bodies of others, so that it rules these out. */
         static final long STRICT = 1L << 19;
+        static final long NUMBERED = 1L << 20;
         static final long EDGES = (long) Types.ID << 22;
         private static final int EDGE_AT = 22;
         private static final int PLACE_AT = 43;
@@ -1863,6 +1895,7 @@ public final class Overloadery {
         /** The instances whose bodies are asked for. */
         private int[] goals = new int[FEW];
         private int goalCount;
+        private boolean hasMoreGoals;
         private boolean isOver;
         private boolean hasChosen;
         private boolean hasSettled;
@@ -2286,8 +2319,9 @@ public final class Overloadery {
         }
 
         void clearGoals() {
-            if (goalCount > 0) unmarkAll(GOAL | WAITING);
+            unmarkAll(GOAL | WAITING | NUMBERED);
             goalCount = 0;
+            hasMoreGoals = false;
         }
 
         /** Takes an instance among those whose bodies are asked for. */
@@ -2295,7 +2329,10 @@ public final class Overloadery {
             if ((types.infos[id] & (GOAL | mark)) == (GOAL | mark)) return;
             types.infos[id] |= GOAL | mark;
             if (goalCount == goals.length) {
-                if (goalCount == MOST_GOALS) return;
+                if (goalCount == MOST_GOALS) {
+                    hasMoreGoals = true;
+                    return;
+                }
                 goals = Arrays.copyOf(goals, Math.min(MOST_GOALS, goalCount << MORE));
             }
             goals[goalCount++] = id;
@@ -2308,7 +2345,15 @@ public final class Overloadery {
                 if (is(goals[i], WAITING)) goals[left++] = goals[i];
             }
             goalCount = left;
-            return left;
+            if (left > 0 || !hasMoreGoals) return left;
+            hasMoreGoals = false;
+            for (int id = Types.POINTER; id < types.count && goalCount < MOST_GOALS; id++) {
+                if (!is(id, WAITING)) continue;
+                unmark(id, WAITING);
+                addGoal(id, WAITING);
+            }
+            hasMoreGoals = goalCount == MOST_GOALS;
+            return goalCount;
         }
 
         boolean areDecided() {
@@ -2751,7 +2796,6 @@ public final class Overloadery {
         private int group;
         /** The bodies that were found; for those of the only one that is open; and by way of the line. */
         private int set;
-        private int least;
         private long byOpen;
         private long byLine;
 
@@ -2783,11 +2827,6 @@ public final class Overloadery {
         /** The bodies that the one that was looked at can have. */
         int set() {
             return set;
-        }
-
-        /** The body that it has if nothing holds that is open. */
-        int least() {
-            return least;
         }
 
         boolean isStrict() {
@@ -2875,7 +2914,6 @@ public final class Overloadery {
                 isStrict = false;
                 sureAnyway = sure;
                 maybeAnyway = maybe;
-                if (at == own) least = templates.possible(template, sure, 0);
                 if (!Bodies.isSingle(possible) && chains.supposesFirst(at)) {
                     set = 0;
                     isStrict = !chains.isAllSupposed();
@@ -3066,7 +3104,7 @@ public final class Overloadery {
             startAnew();
             isAnew = false;
             for (int id = Types.POINTER; id < types.count; id++) {
-                if (bodies.is(id, Bodies.GOAL)) put(id);
+                if (bodies.is(id, Bodies.GOAL | Bodies.NUMBERED)) put(id);
             }
         }
 
@@ -3076,17 +3114,32 @@ public final class Overloadery {
             }
         }
 
-        /** Puts the instances that have numbers, or else the first one of their bases whose body is open. */
-        void putNumbered() {
+        /**
+         * Puts the instances that have numbers, and their bases up to the first one that may have several bodies; tells
+         * whether any of them was not there yet.
+         */
+        boolean putsNumbered() {
+            boolean isNew = false;
             for (int i = 0; i < types.numbered(); i++) {
                 int at = Types.isInstance(types.head(i)) ? types.id(i) : NONE;
-                for (int step = 0; step < Chains.STEPS && at != NONE; step++) {
+                for (int step = 0; step <= Chains.STEPS && at != NONE; step++) {
                     boolean isInstance = Types.isInstance(types.headOf(at));
-                    if (isInstance) put(at);
                     int set = isInstance ? bodies.setOf(at) : 0;
+                    if (isInstance && bodies.isOpen(at) && !bodies.is(at, Bodies.MEMBER)) {
+                        bodies.mark(at, Bodies.NUMBERED);
+                        put(at);
+                        isNew = true;
+                    }
                     at = set != 0 && Bodies.isSingle(set) ? bodies.baseAt(at, Bodies.code(set)) : NONE;
                 }
             }
+            return isNew;
+        }
+
+        /** Leaves just the goals. */
+        void dropNumbered() {
+            bodies.unmarkAll(Bodies.NUMBERED);
+            putAnew();
         }
 
         /** What was chosen does not go with what was found: it is forgotten, and all begins anew. */
@@ -4380,6 +4433,7 @@ public final class Overloadery {
         /** With so few that are pending it is worth while to forget which ones were met, if there is no room to note more. */
         private static final int FEW_PENDING = 1 << 10;
         private static final int MOST_STEPS = 1 << 24;
+        private static final int MOST_STEPS_ALONE = 1 << 22;
         private static final int MIXED = Frontier.ORDERS;
 
         private final Types types;
@@ -4396,6 +4450,7 @@ public final class Overloadery {
         private int order;
         private int steps;
         private int last;
+        private int woken;
         private boolean hasSkipped;
         /** Whether an order came to its end, as there was no room. */
         private boolean isOut;
@@ -4430,7 +4485,7 @@ public final class Overloadery {
         /** Begins to go through types in an order. */
         private void start(int order) {
             this.order = order;
-            last = steps + MOST_STEPS;
+            last = steps + (order == MIXED ? MOST_STEPS : MOST_STEPS_ALONE);
             isOut = false;
             clear();
             unmarkAll(Types.NOTED | Types.PENDING);
@@ -4578,7 +4633,16 @@ public final class Overloadery {
 
         private void wake(int id) {
             if (id < Types.POINTER || !bodies.is(id, Bodies.WAITING)) return;
-            if (goesBehind(id)) bodies.unmark(id, Bodies.WAITING);
+            if (!goesBehind(id)) return;
+            // If its body was chosen, it is asked for again if that is to be forgotten.
+            boolean isChosen = Bodies.isChosen(types.infos[id]);
+            bodies.unmark(id, isChosen ? Bodies.WAITING : Bodies.WAITING | Bodies.GOAL);
+            woken++;
+        }
+
+        /** How many were waited for, and are not any more. */
+        int woken() {
+            return woken;
         }
 
         /** Goes on from all of whose bodies enough is known, and tells how many wait yet. */
