@@ -29,12 +29,12 @@ public final class Overloadery {
     private static final int MORE_RUNS = 1 << 6;
     private static final int ROUNDS = 1 << 8;
     /** How often instances are looked at: at the first level, by how much more at the next ones, beside a question, at most. */
-    private static final int LOOKS = 1 << 10;
+    private static final int LOOKS = 1 << 11;
     private static final int FARTHER = 3;
     private static final int LEVELS = 4;
     private static final int LOOKS_ASIDE = 1 << 14;
-    private static final int MOST_LOOKS = 1 << 22;
-    private static final int ALL_LOOKS = 1 << 24;
+    private static final int MOST_LOOKS = 1 << 23;
+    private static final int ALL_LOOKS = 1 << 25;
     /** How far a walk goes in a turn, how often is looked in it, also if nothing else goes on, and how many turns there are. */
     private static final int TURN = 64;
     private static final int LOOKS_OF_TURN = 1 << 11;
@@ -50,6 +50,7 @@ public final class Overloadery {
     private static final int AT_LEAST = 6;
     private static final int DONE = 7;
     private static final int TRIES = 1 << 6;
+    private static final int MOST_GATHERED = 4;
 
     private final Types table;
     private final Hierarchy hierarchy;
@@ -65,6 +66,8 @@ public final class Overloadery {
     private final Making making;
     /** Whether bodies were looked for beside a question, too. */
     private boolean isAside;
+    /** How often what was chosen had been forgotten when candidates were found. */
+    private int gathered;
 
     public Overloadery() {
         Types newTypes = new Types();
@@ -315,15 +318,25 @@ public final class Overloadery {
     public int resolve(int namespace, int name) throws IndexOutOfBoundsException, IllegalArgumentException {
         needNamespace(namespace);
         needName(name);
-        gather(namespace, name);
-        return (int) answer(BEST, NONE, NONE);
+        long best = 0;
+        for (int i = 0; i < MOST_GATHERED; i++) {
+            gather(namespace, name);
+            best = answer(BEST, NONE, NONE);
+            if (!isGatheredAnew()) break;
+        }
+        return (int) best;
     }
 
     public int resolveAnew(int namespace, int name) throws IndexOutOfBoundsException, IllegalArgumentException {
         needNamespace(namespace);
         needName(name);
-        gather(namespace, name);
-        return (int) answer(BEST_ANEW, NONE, NONE);
+        long best = 0;
+        for (int i = 0; i < MOST_GATHERED; i++) {
+            gather(namespace, name);
+            best = answer(BEST_ANEW, NONE, NONE);
+            if (!isGatheredAnew()) break;
+        }
+        return (int) best;
     }
 
     // ---- objects
@@ -441,6 +454,7 @@ public final class Overloadery {
      */
     private long answer(int kind, int one, int two) {
         if (kind < BEST) explorer.begin();
+        look.count();
         isAside = false;
         long answer = 0;
         int level = 0;
@@ -570,6 +584,11 @@ public final class Overloadery {
         }
     }
 
+    /** Whether candidates are to be found anew, as bodies by which they were found go no more. */
+    private boolean isGatheredAnew() {
+        return explorer.revoked() > gathered;
+    }
+
     /** Finds the candidates of the call of a name. */
     private void gather(int namespace, int name) {
         explorer.begin();
@@ -615,6 +634,8 @@ public final class Overloadery {
         for (int i = 0; i < functions.namespaces(); i++) {
             if ((walk.found() >> i & 1) == 1) call.takesFrom(i, name);
         }
+        gathered = explorer.revoked();
+        bodies.clearGoals();
     }
 
     private void putArguments() {
