@@ -34,7 +34,7 @@ public final class Overloadery {
     private static final int LEVELS = 4;
     private static final int LOOKS_ASIDE = 1 << 14;
     private static final int MOST_LOOKS = 1 << 23;
-    private static final int ALL_LOOKS = 1 << 25;
+    private static final int ALL_LOOKS = 1 << 24;
     /** How far a walk goes in a turn, how often is looked in it, also if nothing else goes on, and how many turns there are. */
     private static final int TURN = 64;
     private static final int LOOKS_OF_TURN = 1 << 11;
@@ -61,7 +61,6 @@ public final class Overloadery {
     private final Explorer explorer;
     private final Search search;
     private final Functions functions;
-    private final Call call;
     private final Walk walk;
     private final Making making;
     /** Whether bodies were looked for beside a question, too. */
@@ -78,7 +77,6 @@ public final class Overloadery {
         Look newLook = new Look(newTypes, newTemplates, newBodies, newChains);
         Frontier walked = new Frontier(newTypes);
         Explorer newExplorer = new Explorer(newTypes, newTemplates, newBodies, newChains, newLook, walked);
-        Functions newFunctions = new Functions(newTypes);
         table = newTypes;
         hierarchy = newHierarchy;
         templates = newTemplates;
@@ -87,8 +85,7 @@ public final class Overloadery {
         look = newLook;
         explorer = newExplorer;
         search = new Search(newTypes, newBodies, newChains, newLook);
-        functions = newFunctions;
-        call = new Call(newTypes, newHierarchy, newTemplates, newFunctions, newBodies, newChains);
+        functions = new Functions(newTypes, newHierarchy, newTemplates, newBodies, newChains);
         walk = new Walk(newTypes, newHierarchy, newTemplates, newBodies, newExplorer, walked);
         making = new Making(newHierarchy);
     }
@@ -274,19 +271,19 @@ public final class Overloadery {
         needType(type);
         boolean isCategory = category == 'l' || category == 'k' || category == 'r';
         if (isOpen(type) || !isCategory) throw new IllegalArgumentException();
-        if (call.count() >= Functions.EACH) throw new IllegalStateException();
-        return call.put(type, category);
+        if (functions.arguments() >= Functions.EACH) throw new IllegalStateException();
+        return functions.putArgument(type, category);
     }
 
     public int clearArguments() {
-        return call.clear();
+        return functions.dropArguments();
     }
 
     public int candidates(int namespace, int name) throws IndexOutOfBoundsException, IllegalArgumentException {
         needNamespace(namespace);
         needName(name);
         gather(namespace, name);
-        return call.candidateCount();
+        return functions.candidateCount();
     }
 
     public boolean isViable(int function) throws IndexOutOfBoundsException {
@@ -296,7 +293,7 @@ public final class Overloadery {
 
     public int coming(int function, int argument) throws IndexOutOfBoundsException, IllegalStateException {
         needFunction(function);
-        if (argument < 0 || argument >= call.count()) throw new IndexOutOfBoundsException();
+        if (argument < 0 || argument >= functions.arguments()) throw new IndexOutOfBoundsException();
         int way = (int) answer(COMING, function, argument);
         if (way == NOT_VIABLE) throw new IllegalStateException();
         return way;
@@ -466,9 +463,9 @@ public final class Overloadery {
             int left = RUNS;
             for (int run = 0; run < left && goesOn; run++) {
                 for (int i = 0; i < functions.count() && kind > DISTANCE; i++) {
-                    call.settle(kind, one, i);
+                    functions.settle(kind, one, i);
                 }
-                long now = kind > DISTANCE ? call.outcome(kind, one, two) : outcome(kind, one, two);
+                long now = kind > DISTANCE ? functions.outcome(kind, one, two) : outcome(kind, one, two);
                 if (run == 0) answer = now;
                 // The others of whose bodies it depends are gathered, too.
                 if (now != answer) left = Math.min(left, run + MORE_RUNS);
@@ -593,13 +590,13 @@ public final class Overloadery {
     private void gather(int namespace, int name) {
         explorer.begin();
         isAside = false;
-        call.beginCandidates(namespace, name);
+        functions.beginCandidates(namespace, name);
         int contents = 0;
-        for (int i = 0; i < call.count(); i++) {
-            contents |= table.contents(call.argument(i));
+        for (int i = 0; i < functions.arguments(); i++) {
+            contents |= table.contents(functions.argument(i));
         }
         templates.lookBehind(contents);
-        walk.begin(call.wantedClasses(name));
+        walk.begin(functions.wantedClasses(name));
         putArguments();
         int revoked = 0;
         int woken = walk.woken();
@@ -632,15 +629,15 @@ public final class Overloadery {
             putArguments();
         }
         for (int i = 0; i < functions.namespaces(); i++) {
-            if ((walk.found() >> i & 1) == 1) call.takesFrom(i, name);
+            if ((walk.found() >> i & 1) == 1) functions.takesFrom(i, name);
         }
         gathered = explorer.revoked();
         bodies.clearGoals();
     }
 
     private void putArguments() {
-        for (int i = 0; i < call.count(); i++) {
-            walk.put(table.id(call.argument(i)));
+        for (int i = 0; i < functions.arguments(); i++) {
+            walk.put(table.id(functions.argument(i)));
         }
     }
 
@@ -2803,8 +2800,10 @@ public final class Overloadery {
         private boolean isWhole;
         private boolean isDense;
         private boolean isBusy;
-        private boolean isFresh;
-        /** The specialisations that are left, that fit, that may fit; the same for whatever is supposed; how often it was. */
+        /**
+         * The specialisations that are left, that fit, that may fit; the same for whatever is supposed; how often something
+         * was supposed, NONE if it is not known yet what the one at which it is depends on.
+         */
         private int template;
         private int rest;
         private int sure;
@@ -2869,14 +2868,13 @@ public final class Overloadery {
             line = 0;
             byLine = EACH_ITSELF;
             isBusy = true;
-            isFresh = true;
+            run = NONE;
             this.time = time;
             this.isWhole = isWhole;
         }
 
         private void beginAt() {
             if (line == 0) chains.begin(time);
-            isFresh = false;
             template = Types.templateOf(types.headOf(at));
             run = 0;
             byOpen = 0;
@@ -2895,7 +2893,7 @@ public final class Overloadery {
 
         /** Goes on by a step. */
         void goOn() {
-            if (isFresh) beginAt();
+            if (run == NONE) beginAt();
             int possible = templates.possible(template, sure, maybe | rest);
             if (rest == 0 || Bodies.isSingle(possible)) {
                 endRun(possible);
@@ -2980,7 +2978,7 @@ public final class Overloadery {
             at = other;
             line++;
             looks++;
-            isFresh = true;
+            run = NONE;
             return true;
         }
 
@@ -3943,13 +3941,26 @@ public final class Overloadery {
         }
     }
 
-    /** The namespaces and the functions in them. */
+    /**
+     * The namespaces with their functions, and the arguments of a call: how they come to the parameters of a function, the
+     * candidates, and which one is chosen.
+     */
     private static final class Functions {
         static final int NAMESPACES = 6;
         static final int FUNCTIONS = 24;
         static final int EACH = 3;
+        private static final int RANK = 1000;
+        private static final int TO_TRUTH = 99;
+        private static final int NO_VIABLE = -1;
+        private static final int NO_BEST = -2;
+        private static final int DELETED = -3;
+        private static final int NOT_SURE = -4;
 
         private final Types types;
+        private final Hierarchy hierarchy;
+        private final Templates templates;
+        private final Bodies bodies;
+        private final Chains chains;
         private int namespaces = 1;
         private final int[] outers = new int[NAMESPACES];
         private int count;
@@ -3959,9 +3970,23 @@ public final class Overloadery {
         private final int[] counts = new int[FUNCTIONS];
         private final char[] modes = new char[FUNCTIONS * EACH];
         private final int[] told = new int[FUNCTIONS * EACH];
+        private int argumentCount;
+        private final int[] arguments = new int[EACH];
+        private final char[] categories = new char[EACH];
+        /** The types of the parameters of the function that was looked at last. */
+        private final int[] taken = new int[EACH];
+        private final int[] line = new int[Chains.STEPS];
+        private final int[] ways = new int[FUNCTIONS * EACH];
+        private final boolean[] areSure = new boolean[FUNCTIONS * EACH];
+        private final boolean[] areCandidates = new boolean[FUNCTIONS];
+        private final boolean[] areViable = new boolean[FUNCTIONS];
 
-        Functions(Types types) {
+        Functions(Types types, Hierarchy hierarchy, Templates templates, Bodies bodies, Chains chains) {
             this.types = types;
+            this.hierarchy = hierarchy;
+            this.templates = templates;
+            this.bodies = bodies;
+            this.chains = chains;
             outers[0] = NONE;
         }
 
@@ -4021,56 +4046,17 @@ public final class Overloadery {
             return told[function * EACH + at];
         }
 
-        /** All types as told, three places a function. */
-        int[] allTold() {
-            return told;
-        }
-
         boolean isOfTemplate(int function) {
             for (int i = 0; i < counts[function]; i++) {
                 if (types.isOpen(told(function, i))) return true;
             }
             return false;
         }
-    }
 
-    /** The arguments of a call, how they come to the parameters of a function, the candidates, and which is chosen. */
-    private static final class Call {
-        private static final int RANK = 1000;
-        private static final int TO_TRUTH = 99;
-        private static final int NO_VIABLE = -1;
-        private static final int NO_BEST = -2;
-        private static final int DELETED = -3;
-        private static final int NOT_SURE = -4;
+        // ---- arguments
 
-        private final Types types;
-        private final Hierarchy hierarchy;
-        private final Templates templates;
-        private final Functions functions;
-        private final Bodies bodies;
-        private final Chains chains;
-        private int count;
-        private final int[] arguments = new int[Functions.EACH];
-        private final char[] categories = new char[Functions.EACH];
-        /** The types of the parameters of the function that was looked at last. */
-        private final int[] taken = new int[Functions.EACH];
-        private final int[] line = new int[Chains.STEPS];
-        private final int[] ways = new int[Functions.FUNCTIONS * Functions.EACH];
-        private final boolean[] areSure = new boolean[Functions.FUNCTIONS * Functions.EACH];
-        private final boolean[] areCandidates = new boolean[Functions.FUNCTIONS];
-        private final boolean[] areViable = new boolean[Functions.FUNCTIONS];
-
-        Call(Types types, Hierarchy hierarchy, Templates templates, Functions functions, Bodies bodies, Chains chains) {
-            this.types = types;
-            this.hierarchy = hierarchy;
-            this.templates = templates;
-            this.functions = functions;
-            this.bodies = bodies;
-            this.chains = chains;
-        }
-
-        int count() {
-            return count;
+        int arguments() {
+            return argumentCount;
         }
 
         /** The number of the type of an argument. */
@@ -4078,15 +4064,15 @@ public final class Overloadery {
             return arguments[at];
         }
 
-        int put(int type, char category) {
-            arguments[count] = type;
-            categories[count] = category;
-            return ++count;
+        int putArgument(int type, char category) {
+            arguments[argumentCount] = type;
+            categories[argumentCount] = category;
+            return ++argumentCount;
         }
 
-        int clear() {
-            int before = count;
-            count = 0;
+        int dropArguments() {
+            int before = argumentCount;
+            argumentCount = 0;
             return before;
         }
 
@@ -4094,20 +4080,20 @@ public final class Overloadery {
 
         /** Takes as the candidates those of the innermost namespace that has some. */
         void beginCandidates(int namespace, int name) {
-            for (int i = 0; i < Functions.FUNCTIONS; i++) {
+            for (int i = 0; i < FUNCTIONS; i++) {
                 areCandidates[i] = false;
             }
             int at = namespace;
-            for (int i = 0; i < Functions.NAMESPACES && at != NONE; i++) {
-                at = takesFrom(at, name) ? NONE : functions.outer(at);
+            for (int i = 0; i < NAMESPACES && at != NONE; i++) {
+                at = takesFrom(at, name) ? NONE : outer(at);
             }
         }
 
         /** Takes those of a namespace, too, and tells whether there are some. */
         boolean takesFrom(int namespace, int name) {
             boolean hasSome = false;
-            for (int i = 0; i < functions.count(); i++) {
-                if (functions.isNamed(i, namespace, name)) {
+            for (int i = 0; i < count; i++) {
+                if (isNamed(i, namespace, name)) {
                     areCandidates[i] = true;
                     hasSome = true;
                 }
@@ -4118,9 +4104,9 @@ public final class Overloadery {
         /** The classes by way of whose namespace a candidate may be found that is missing, as bits. */
         int wantedClasses(int name) {
             int wanted = 0;
-            for (int i = 0; i < functions.count(); i++) {
+            for (int i = 0; i < count; i++) {
                 for (int cls = 0; cls < hierarchy.count() && !areCandidates[i]; cls++) {
-                    if (functions.isNamed(i, hierarchy.namespace(cls), name)) wanted |= 1 << cls;
+                    if (isNamed(i, hierarchy.namespace(cls), name)) wanted |= 1 << cls;
                 }
             }
             return wanted;
@@ -4128,7 +4114,7 @@ public final class Overloadery {
 
         int candidateCount() {
             int sum = 0;
-            for (int i = 0; i < functions.count(); i++) {
+            for (int i = 0; i < count; i++) {
                 if (areCandidates[i]) sum++;
             }
             return sum;
@@ -4143,8 +4129,8 @@ public final class Overloadery {
             if (kind == VIABLE) return areViable[function] ? 1 : 0;
             if (!areViable[function]) return NOT_VIABLE;
             if (kind == COMING) {
-                int way = ways[function * Functions.EACH + other];
-                return areSure[function * Functions.EACH + other] ? way : -1 - way;
+                int way = ways[function * EACH + other];
+                return areSure[function * EACH + other] ? way : -1 - way;
             }
             int deduced = types.bound[Types.DEDUCED * PARAMETERS + other];
             return deduced == NONE ? NOTHING : deduced;
@@ -4152,7 +4138,7 @@ public final class Overloadery {
 
         private int viableCount() {
             int sum = 0;
-            for (int i = 0; i < functions.count(); i++) {
+            for (int i = 0; i < count; i++) {
                 if (areViable[i]) sum++;
             }
             return sum;
@@ -4162,18 +4148,18 @@ public final class Overloadery {
         void settle(int kind, int asked, int function) {
             areViable[function] = false;
             boolean isAsked = kind == SHARE || (kind >= BEST ? areCandidates[function] : asked == function);
-            if (!isAsked || functions.parameters(function) != count) return;
+            if (!isAsked || parameters(function) != argumentCount) return;
             types.empty(Types.DEDUCED);
-            for (int i = 0; i < count; i++) {
-                int told = functions.told(function, i);
+            for (int i = 0; i < argumentCount; i++) {
+                int told = told(function, i);
                 taken[i] = types.isOpen(told) ? matched(told, types.id(arguments[i])) : types.id(told);
                 if (taken[i] == NONE) return;
             }
-            if (!chains.areMet(Types.DEDUCED, Functions.constraintSet(function))) return;
-            for (int i = 0; i < count; i++) {
+            if (!chains.areMet(Types.DEDUCED, constraintSet(function))) return;
+            for (int i = 0; i < argumentCount; i++) {
                 int way = directWay(function, i);
                 int conversions = 0;
-                boolean isMadeFor = way == NONE && functions.mode(function, i) != 'r';
+                boolean isMadeFor = way == NONE && mode(function, i) != 'r';
                 int type = types.id(arguments[i]);
                 if (isMadeFor) way = valueWay(type, taken[i]);
                 for (int j = 0; j < 2 * Hierarchy.TOLD && isMadeFor && way == NONE; j++) {
@@ -4184,8 +4170,8 @@ public final class Overloadery {
                 }
                 if (conversions > 0) way = 3 * RANK;
                 if (way == NONE) return;
-                ways[function * Functions.EACH + i] = way;
-                areSure[function * Functions.EACH + i] = conversions < 2;
+                ways[function * EACH + i] = way;
+                areSure[function * EACH + i] = conversions < 2;
             }
             areViable[function] = true;
         }
@@ -4238,10 +4224,10 @@ public final class Overloadery {
         /** How an argument comes without a value that is made for it. */
         private int directWay(int function, int at) {
             char category = categories[at];
-            char mode = functions.mode(function, at);
+            char mode = mode(function, at);
             boolean isGoing = category == 'r';
             if (mode == 'r' && category != 'l') return NONE;
-            boolean isAlone = Types.isParameter(types.head(functions.told(function, at)));
+            boolean isAlone = Types.isParameter(types.head(told(function, at)));
             if (mode == 'm' && !isGoing && !isAlone) return NONE;
             int steps = stepsTo(types.id(arguments[at]), taken[at]);
             if (steps < 0) return NONE;
@@ -4276,10 +4262,10 @@ public final class Overloadery {
         /** The best one by a walk for it and a walk against it. */
         private int bestByWalks() {
             int best = NO_VIABLE;
-            for (int i = 0; i < functions.count(); i++) {
+            for (int i = 0; i < count; i++) {
                 if (areViable[i] && (best == NO_VIABLE || isBetter(i, best))) best = i;
             }
-            for (int i = 0; i < functions.count() && best >= 0; i++) {
+            for (int i = 0; i < count && best >= 0; i++) {
                 if (areViable[i] && i != best && !isBetter(best, i)) best = NO_BEST;
             }
             return best;
@@ -4288,10 +4274,10 @@ public final class Overloadery {
         /** The best one by comparing each two. */
         private int bestByPairs() {
             int answer = NO_VIABLE;
-            for (int own = 0; own < functions.count(); own++) {
+            for (int own = 0; own < count; own++) {
                 if (!areViable[own]) continue;
                 boolean isBest = true;
-                for (int other = 0; other < functions.count(); other++) {
+                for (int other = 0; other < count; other++) {
                     if (areViable[other] && other != own && !isBetter(own, other)) isBest = false;
                 }
                 if (isBest) return own;
@@ -4302,26 +4288,26 @@ public final class Overloadery {
 
         private int answerFor(int best) {
             if (best < 0) return best;
-            if (functions.isDeleted(best)) return DELETED;
-            for (int i = 0; i < count; i++) {
-                if (!areSure[best * Functions.EACH + i]) return NOT_SURE;
+            if (isDeleted(best)) return DELETED;
+            for (int i = 0; i < argumentCount; i++) {
+                if (!areSure[best * EACH + i]) return NOT_SURE;
             }
             return best;
         }
 
         private boolean isBetter(int own, int other) {
             boolean isAlike = true;
-            for (int i = 0; i < count; i++) {
-                int difference = ways[own * Functions.EACH + i] - ways[other * Functions.EACH + i];
+            for (int i = 0; i < argumentCount; i++) {
+                int difference = ways[own * EACH + i] - ways[other * EACH + i];
                 if (difference > 0) return false;
                 if (difference < 0) isAlike = false;
             }
             if (!isAlike) return true;
-            boolean isOwnTemplate = functions.isOfTemplate(own);
-            boolean isOtherTemplate = functions.isOfTemplate(other);
+            boolean isOwnTemplate = isOfTemplate(own);
+            boolean isOtherTemplate = isOfTemplate(other);
             if (!isOwnTemplate || !isOtherTemplate) return !isOwnTemplate && isOtherTemplate;
-            return templates.isMoreSpecial(functions.allTold(), own * Functions.EACH, other * Functions.EACH,
-                    count, Functions.constraintSet(own), Functions.constraintSet(other));
+            return templates.isMoreSpecial(told, own * EACH, other * EACH,
+                    argumentCount, constraintSet(own), constraintSet(other));
         }
     }
 
