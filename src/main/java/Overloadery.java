@@ -2508,6 +2508,14 @@ public final class Overloadery {
             }
         }
 
+        /** Lets just one be open. */
+        void openAlone(int id) {
+            keepOpen(0);
+            open[0] = id;
+            opened = 1;
+            types.nodes[id] |= Types.MARKED;
+        }
+
         int opened() {
             return opened;
         }
@@ -2957,8 +2965,11 @@ public final class Overloadery {
             }
             chains.endSupposing();
             if (isDense && goesAlong()) return;
-            // The line ends where nothing goes: that one is not sure.
-            if (set == 0 && at != own) set = 1 << Bodies.UNSURE;
+            // Where nothing goes the line ends ahead of that one.
+            if (set == 0 && at != own) {
+                chains.openAlone(at);
+                set = Bodies.ALL;
+            }
             set = image(byLine, set);
             isBusy = false;
         }

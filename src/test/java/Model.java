@@ -28,7 +28,9 @@ final class Model {
             this.kind = kind;
             this.number = number;
             this.parts = parts;
-            hash = (kind * 31 + number) * 31 + parts.hashCode();
+            int mixed = (kind * 31 + number) * 0x9E3779B1;
+            for (Type part : parts) mixed = (mixed ^ mixed >>> 15 ^ part.hash) * 0x85EBCA6B + 1;
+            hash = mixed ^ mixed >>> 13;
             int sum = 1;
             for (Type part : parts) sum += part.size;
             size = sum;
