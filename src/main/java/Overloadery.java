@@ -569,8 +569,9 @@ public final class Overloadery {
 
     /** Finds a body for each goal by itself; one for which none goes is not sure. */
     private void settleGoals(int limit) {
-        int each = limit / Math.max(1, bodies.goals());
-        for (int i = 0; i < bodies.goals(); i++) {
+        int goals = Math.min(bodies.goals(), Search.MOST_GOALS);
+        int each = limit / Math.max(1, goals);
+        for (int i = 0; i < goals; i++) {
             explorer.makeRoom();
             int goal = bodies.goal(i);
             if (bodies.isDecided(goal)) continue;
@@ -601,6 +602,7 @@ public final class Overloadery {
         int revoked = 0;
         int woken = walk.woken();
         int last = MOST_LOOKS;
+        boolean isWide = true;
         for (int turn = 0; turn < TURNS && walk.lacksSome(); turn++) {
             walk.goOn(TURN);
             if (walk.woken() > woken) last = look.looks() + MOST_LOOKS;
@@ -609,20 +611,22 @@ public final class Overloadery {
             if (mayLook) explorer.run(walk.isIdle() ? LOOKS_ALONE : LOOKS_OF_TURN);
             if (explorer.revoked() > revoked) {
                 revoked = explorer.revoked();
+                isWide = true;
                 walk.startAnew();
                 putArguments();
                 continue;
             }
             walk.wake();
-            if (!walk.isIdle() || mayLook && explorer.canGoOn()) continue;
+            boolean isDue = walk.isIdle() || bodies.goals() >= Search.MOST_GOALS;
+            if (!isDue || mayLook && explorer.canGoOn()) continue;
             explorer.makeRoom();
             int waiting = walk.wakeAll();
-            if (!walk.isIdle()) continue;
+            if (!walk.isIdle() && waiting < Search.MOST_GOALS) continue;
             if (waiting > 0 && look.looks() > ALL_LOOKS) break;
             if (waiting > 0) {
-                boolean isWide = !isAside || explorer.revoked() > 0;
                 int found = foundWay(MOST_LOOKS, isWide, !explorer.isIdle());
                 if (found != Search.FOUND) settleGoals(LOOKS_ASIDE);
+                isWide = false;
                 continue;
             }
             if (!walk.startsNext()) break;
@@ -1149,17 +1153,17 @@ public final class Overloadery {
         }
 
         /**
-         * Sheds the types that have no number, are not in another one that is kept, and have none of some marks. The others
-         * get new ids, which are told by moved() until remember().
+         * Sheds the types that have no number, are not in another one that is kept, and have none of some marks; perhaps
+         * those are kept, too, for whom a body was chosen. The others get new ids, which are told by moved() until remember().
          */
-        void shed(long marks, long notes) {
+        void shed(long marks, long notes, boolean isChosenKept) {
             for (int i = 0; i < numbered; i++) {
                 if (ids[i] != NONE) nodes[ids[i]] |= KEPT;
             }
             // What a type is made of has lower ids than the type itself.
             for (int id = count - 1; id >= POINTER; id--) {
                 boolean hasMark = (nodes[id] & (marks | KEPT)) != 0 || (infos[id] & notes) != 0;
-                if (!hasMark && !Bodies.isChosen(infos[id])) continue;
+                if (!hasMark && !(isChosenKept && Bodies.isChosen(infos[id]))) continue;
                 nodes[id] |= KEPT;
                 nodes[first(id)] |= KEPT;
                 nodes[second(id)] |= KEPT;
@@ -2273,6 +2277,12 @@ public final class Overloadery {
                 long info = types.infos[id] & (1L << PLACE_AT) - 1;
                 types.infos[id] = isSingle((int) info & ALL) ? info | FACT : info;
                 if (isChosen(info)) hasChosen = true;
+                if (isOpen(id)) continue;
+                // It does not depend on others any more, and others need not wait for it.
+                unmark(id, MEMBER | EXPANDED);
+                while (firstEdge(id) != 0) {
+                    dropEdge(id);
+                }
             }
             trailed = 0;
             level = 0;
@@ -3040,6 +3050,8 @@ public final class Overloadery {
         /** Whether there is no room for types, or for who depends on whom. */
         private boolean isFull;
         private boolean isLong;
+        /** Whether there is nothing more to shed. */
+        private boolean isStuck;
         /** Whether all goals are to be put anew. */
         private boolean isAnew;
         private int changes = NONE;
@@ -3084,6 +3096,7 @@ public final class Overloadery {
             hasSkipped = false;
             isFull = false;
             isLong = false;
+            isStuck = false;
             looked = NONE;
             source = NONE;
             changedCount = 0;
@@ -3108,6 +3121,7 @@ public final class Overloadery {
         /** Lets it be tried again whether there is room. */
         void retry() {
             isFull = false;
+            isStuck = false;
         }
 
         int woken() {
@@ -3305,23 +3319,27 @@ public final class Overloadery {
         /** Makes room for types, and tells whether there is enough to go on. */
         boolean makeRoom() {
             if (types.makeRoom()) return true;
+            if (isStuck) return false;
             chains.clearOpen();
-            shed(Bodies.FACT);
-            if (types.isCrowded()) shed(0);
+            shed(true);
+            if (types.isCrowded()) shed(false);
             if (types.isCrowded() && !look.isDense()) {
                 // Long lines take less room from now on.
                 look.setDense(true);
                 startAnew();
                 isAnew = true;
-                shed(0);
+                shed(false);
             }
             types.makeRoom();
-            return !types.isCrowded();
+            isStuck = types.isCrowded();
+            return !isStuck;
         }
 
-        private void shed(long notes) {
-            long needed = Bodies.MEMBER | Bodies.GOAL | Bodies.WAITING | Bodies.CHANGED;
-            types.shed(Types.NOTED | Types.PENDING, needed | notes);
+        /** Sheds types that are not needed; if need be, also those of whose bodies something was found or chosen. */
+        private void shed(boolean isKnownKept) {
+            long needed = Bodies.MEMBER | Bodies.WAITING | Bodies.CHANGED;
+            long known = Bodies.FACT | Bodies.GOAL;
+            types.shed(Types.NOTED | Types.PENDING, isKnownKept ? needed | known : needed, isKnownKept);
             bodies.moveIds();
             frontier.moveIds();
             walked.moveIds();
@@ -3539,6 +3557,8 @@ public final class Overloadery {
 
         private static final int MOST = 1 << 28;
         private static final int MOST_PATH = 400_000;
+        /** For how many goals bodies are found at once; there may be more. */
+        static final int MOST_GOALS = 1 << 12;
         private static final int MOST_RESTARTS = 1 << 8;
         private static final int FEW = 1 << 6;
         private static final int MORE = 5;
@@ -3625,10 +3645,11 @@ public final class Overloadery {
         private int nextAim() {
             if (only != NONE) return bodies.isDecided(only) ? NONE : only;
             if (mode != FOR_ALL) {
-                while (aimed < bodies.goals() && bodies.isDecided(bodies.goal(aimed))) {
+                int goals = Math.min(bodies.goals(), MOST_GOALS);
+                while (aimed < goals && bodies.isDecided(bodies.goal(aimed))) {
                     aimed++;
                 }
-                return aimed < bodies.goals() ? bodies.goal(aimed) : NONE;
+                return aimed < goals ? bodies.goal(aimed) : NONE;
             }
             while (aimed < types.count && (!bodies.is(aimed, Bodies.EXPANDED) || bodies.isDecided(aimed))) {
                 aimed++;
