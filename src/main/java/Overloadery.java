@@ -40,6 +40,8 @@ public final class Overloadery {
     private static final int LOOKS_OF_TURN = 1 << 11;
     private static final int LOOKS_ALONE = 1 << 12;
     private static final int TURNS = 1 << 24;
+    /** With so many that wait their bodies are chosen, though the walk could go on to others that go only with some of them. */
+    private static final int MOST_WAITING = 1 << 15;
     /** What is tried to find bodies that go together: also for those that have numbers, for all, for the goals. */
     private static final int ASIDE = 0;
     private static final int ASIDE_ANEW = 1;
@@ -617,11 +619,11 @@ public final class Overloadery {
                 continue;
             }
             walk.wake();
-            boolean isDue = walk.isIdle() || bodies.goals() >= Search.MOST_GOALS;
+            boolean isDue = walk.isIdle() || bodies.goals() >= MOST_WAITING;
             if (!isDue || mayLook && explorer.canGoOn()) continue;
             explorer.makeRoom();
             int waiting = walk.wakeAll();
-            if (!walk.isIdle() && waiting < Search.MOST_GOALS) continue;
+            if (!walk.isIdle() && waiting < MOST_WAITING) continue;
             if (waiting > 0 && look.looks() > ALL_LOOKS) break;
             if (waiting > 0) {
                 int found = foundWay(MOST_LOOKS, isWide, !explorer.isIdle());

@@ -19,6 +19,9 @@ public final class LargeCirclesTest {
         for (int digits : new int[] {1, 4, 9, 13}) {
             test.longRing(digits);
         }
+        for (int digits : new int[] {2, 6, 10}) {
+            test.oneWayIsLeftLater(digits);
+        }
         test.c.finish("LargeCirclesTest");
     }
 
@@ -176,5 +179,64 @@ public final class LargeCirclesTest {
         x.setBase(4, 0, -1);
         x.setBase(4, -1, -1);
         c.due("a ring of which none does, " + digits, () -> x.chosenFor(asked), -1);
+    }
+
+    /**
+     * One machine counts up: with each number it meets an instance of template 0, which leads to classes 0 and 2, or to class
+     * 1. Another one counts down, and with each number it meets an instance of template 2, which leaves the second way alone.
+     */
+    private void oneWayIsLeftLater(int digits) {
+        Overloadery x = new Overloadery();
+        x.addNamespace(0);
+        classes(x, 2);
+        x.addClass(1);
+        x.addBase(2, 0, false);
+        templates(x, 1, 2, 1, 2, 2);
+        int t0 = x.parameter(0);
+        int t1 = x.parameter(1);
+        x.setBase(0, -1, x.instance(3, x.instance(0, t0, -1), 0));
+        x.setBase(2, -1, x.instance(3, x.instance(2, t0, -1), x.instance(0, t0, -1)));
+        x.specialise(3, t0, t1);
+        x.constrain(3, 0, 0, 'd', 0);
+        x.constrain(3, 0, 1, 'd', 0);
+        x.setBase(3, 0, x.classType(1));
+        x.specialise(3, t0, 0);
+        x.constrain(3, 1, 0, 'd', 0);
+        x.setBase(3, 1, x.classType(2));
+        x.specialise(3, t0, 0);
+        x.setBase(3, 2, x.classType(1));
+        x.setBase(3, -1, x.classType(0));
+        count(x, 4, x.instance(2, t1, -1), x.pointerTo(t1), x.instance(0, t1, -1));
+        count(x, 1, x.pointerTo(t1), x.instance(2, t1, -1), x.instance(2, t1, -1));
+        x.addFunction(1, 0, false);
+        int start = x.pointerTo(0);
+        for (int end = 0; end < 3; end++) {
+            int up = x.instance(4, start, Machine.pointers(x, end, digits));
+            int all = end;
+            for (int i = 0; i < digits; i++) {
+                all = x.instance(2, all, -1);
+            }
+            int down = x.instance(1, x.instance(2, start, -1), all);
+            x.addArgument(x.instance(4, up, down), 'l');
+        }
+        c.due("one way is left later, " + digits, () -> x.candidates(0, 0), 0);
+    }
+
+    /** A machine in one template: a digit is carried, the other one is not; its numbers stand beside it in its bases. */
+    private static void count(Overloadery x, int template, int carried, int other, int number) {
+        int t0 = x.parameter(0);
+        int t1 = x.parameter(1);
+        int more = x.pointerTo(t0);
+        int start = x.pointerTo(0);
+        x.specialise(template, t0, carried);
+        x.constrain(template, 0, 0, 'p', 0);
+        x.setBase(template, 0, x.instance(template, more, t1));
+        x.specialise(template, t0, other);
+        x.constrain(template, 1, 0, 'p', 0);
+        x.setBase(template, 1, x.instance(template, x.instance(2, t0, -1), carried));
+        x.specialise(template, x.instance(2, x.pointerTo(more), -1), t1);
+        x.setBase(template, 2, x.instance(template, x.instance(2, more, -1), other));
+        x.specialise(template, x.instance(2, start, -1), t1);
+        x.setBase(template, 3, x.instance(template, x.instance(template, start, t1), number));
     }
 }
