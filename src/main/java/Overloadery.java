@@ -42,15 +42,21 @@ public final class Overloadery {
     private static final int TURNS = 1 << 24;
     /** With so many that wait their bodies are chosen, though the walk could go on to others that go only with some of them. */
     private static final int MOST_WAITING = 1 << 15;
-    /** What is tried to find bodies that go together: also for those that have numbers, for all, for the goals. */
+    /**
+     * What is tried to find bodies that go together: also for those that have numbers, also for those that come about by way
+     * of these, for all, for the goals.
+     */
     private static final int ASIDE = 0;
     private static final int ASIDE_ANEW = 1;
-    private static final int TOGETHER = 2;
-    private static final int GOALS = 3;
-    private static final int ANEW = 4;
-    private static final int GOALS_ANEW = 5;
-    private static final int AT_LEAST = 6;
-    private static final int DONE = 7;
+    private static final int WIDE = 2;
+    private static final int WIDE_ANEW = 3;
+    private static final int NARROW = 4;
+    private static final int TOGETHER = 5;
+    private static final int GOALS = 6;
+    private static final int ANEW = 7;
+    private static final int GOALS_ANEW = 8;
+    private static final int AT_LEAST = 9;
+    private static final int DONE = 10;
     private static final int TRIES = 1 << 6;
     private static final int MOST_GATHERED = 4;
 
@@ -516,13 +522,14 @@ public final class Overloadery {
 
     /**
      * Finds bodies for the goals that go together. In a wide way, if all on whom the goals depend are known, they go with
-     * those that have numbers and their bases as well, as long as there is a way. What was chosen earlier is forgotten if it
-     * does not go with them.
+     * those that have numbers, and with those that come about by way of these, as long as there is a way. What was chosen
+     * earlier is forgotten if it does not go with them.
      */
     private int foundWay(int limit, boolean isWide, boolean isLast) {
         int found = Search.UNKNOWN;
         boolean isDue = false;
         boolean isAhead = isWide && !isAside && explorer.isIdle();
+        boolean isNarrow = false;
         int step = isAhead ? ASIDE : isWide ? TOGETHER : GOALS;
         isAside = isAside || isAhead;
         for (int i = 0; i < TRIES && step < DONE; i++) {
@@ -531,10 +538,21 @@ public final class Overloadery {
                     isDue = explorer.putsNumbered() || found != Search.FOUND;
                     if (isDue) explorer.run(LOOKS_ASIDE);
                     break;
+                case WIDE:
+                    isDue = !isNarrow && explorer.putsMet();
+                    if (isDue) explorer.run(LOOKS_ASIDE);
+                    break;
                 case ASIDE_ANEW:
+                case WIDE_ANEW:
                 case ANEW:
                     isDue = found == Search.NO_WAY && explorer.revokes();
                     if (isDue) explorer.run(limit);
+                    break;
+                case NARROW:
+                    isNarrow = true;
+                    isDue = false;
+                    explorer.dropNumbered();
+                    found = Search.UNKNOWN;
                     break;
                 case TOGETHER:
                     isDue = true;
@@ -544,24 +562,36 @@ public final class Overloadery {
                 default:
                     isDue = step != AT_LEAST || isLast;
             }
-            int mode = step == AT_LEAST ? Search.AT_LEAST : step < GOALS || step == ANEW ? Search.FOR_ALL : Search.FOR_GOALS;
-            isDue = isDue && (mode != Search.FOR_ALL || explorer.isIdle());
-            if (isDue) {
+            boolean isReady = isDue && (modeOf(step) != Search.FOR_ALL || explorer.isIdle());
+            if (isReady) {
                 explorer.makeRoom();
-                found = search.run(mode, NONE, limit);
+                found = search.run(modeOf(step), NONE, limit);
+            } else if (isDue && step == WIDE) {
+                found = Search.UNKNOWN;
             }
-            step = nextStep(step, isDue, found == Search.FOUND);
+            step = nextStep(step, step == WIDE ? isDue : isReady, found == Search.FOUND);
         }
         return found;
+    }
+
+    private static int modeOf(int step) {
+        if (step == AT_LEAST) return Search.AT_LEAST;
+        return step == GOALS || step == GOALS_ANEW ? Search.FOR_GOALS : Search.FOR_ALL;
     }
 
     /** What is tried next to find bodies that go together. */
     private static int nextStep(int step, boolean wasDue, boolean isFound) {
         switch (step) {
             case ASIDE:
-                return wasDue ? isFound ? ASIDE : ASIDE_ANEW : isFound ? DONE : TOGETHER;
+                return wasDue ? isFound ? ASIDE : ASIDE_ANEW : isFound ? WIDE : TOGETHER;
             case ASIDE_ANEW:
                 return wasDue && isFound ? ASIDE : TOGETHER;
+            case WIDE:
+                return wasDue ? isFound ? WIDE : WIDE_ANEW : DONE;
+            case WIDE_ANEW:
+                return wasDue && isFound ? WIDE : NARROW;
+            case NARROW:
+                return ASIDE;
             case ANEW:
                 return wasDue ? isFound ? DONE : GOALS_ANEW : AT_LEAST;
             default:
@@ -1877,6 +1907,7 @@ public final class Overloadery {
         /** Whether an instance has no body for some bodies of others, so that it rules these out. */
         static final long STRICT = 1L << 19;
         static final long NUMBERED = 1L << 20;
+        static final long MET = 1L << 21;
         static final long EDGES = (long) Types.ID << 22;
         private static final int EDGE_AT = 22;
         private static final int PLACE_AT = 43;
@@ -3031,6 +3062,7 @@ public final class Overloadery {
         private static final int MOST_CHANGED = 1 << 17;
         /** How often what was chosen is forgotten for a question. */
         private static final int MOST_REVOKED = 1 << 4;
+        private static final int MOST_MET = 1 << 13;
         private static final int MOST_SHORTS = 4;
 
         private final Types types;
@@ -3058,6 +3090,10 @@ public final class Overloadery {
         private boolean isAnew;
         private int changes = NONE;
         private int revoked;
+        private int numbered;
+        /** Those that come about by way of types that have numbers. */
+        private int[] met = new int[FEW];
+        private int metCount;
         /** The goals whose bodies became fewer, as far as there is room. */
         private final int[] woken = new int[MOST_WOKEN];
         private int wokenCount;
@@ -3080,9 +3116,10 @@ public final class Overloadery {
                 changes = templates.changes();
                 types.forget();
                 bodies.forget();
-            } else if (bodies.hasSettled()) {
+            } else if (bodies.hasSettled() || bodies.hasChosen() && types.numbered() != numbered) {
                 bodies.forgetChosen();
             }
+            numbered = types.numbered();
             look.setDense(false);
             look.count();
             startAnew();
@@ -3180,6 +3217,46 @@ public final class Overloadery {
                 }
             }
             return isNew;
+        }
+
+        /**
+         * Puts the instances that come about by way of the types that have numbers: those in them, their bases as far as they
+         * are known, those in these, and so on; tells whether any of them was not there yet.
+         */
+        boolean putsMet() {
+            boolean isNew = false;
+            metCount = 0;
+            for (int i = 0; i < types.numbered(); i++) {
+                meet(types.id(i));
+            }
+            for (int i = 0; i < metCount; i++) {
+                int id = met[i];
+                int head = types.headOf(id);
+                meet(types.first(id));
+                if (head >= Types.TWOFOLD) meet(types.second(id));
+                if (head < Types.SINGLE) continue;
+                int set = bodies.setOf(id);
+                if (bodies.isOpen(id) && !bodies.is(id, Bodies.MEMBER)) {
+                    bodies.mark(id, Bodies.NUMBERED);
+                    put(id);
+                    isNew = true;
+                }
+                if (Bodies.isSingle(set)) meet(bodies.baseAt(id, Bodies.code(set)));
+            }
+            for (int i = 0; i < metCount; i++) {
+                bodies.unmark(met[i], Bodies.MET);
+            }
+            return isNew;
+        }
+
+        private void meet(int id) {
+            if (id < Types.POINTER || bodies.is(id, Bodies.MET) || types.isShort()) return;
+            if (metCount == met.length) {
+                if (metCount == MOST_MET) return;
+                met = Arrays.copyOf(met, Math.min(MOST_MET, metCount << MORE));
+            }
+            bodies.mark(id, Bodies.MET);
+            met[metCount++] = id;
         }
 
         /** Leaves just the goals. */
