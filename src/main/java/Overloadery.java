@@ -33,6 +33,7 @@ public final class Overloadery {
     private static final int FARTHER = 3;
     private static final int LEVELS = 4;
     private static final int LOOKS_ASIDE = 1 << 14;
+    private static final int SEARCHED_ASIDE = 1 << 16;
     private static final int MOST_LOOKS = 1 << 23;
     private static final int ALL_LOOKS = 1 << 24;
     /** How far a walk goes in a turn, how often is looked in it, also if nothing else goes on, and how many turns there are. */
@@ -489,7 +490,9 @@ public final class Overloadery {
             boolean isLast = level == LEVELS || look.looks() > ALL_LOOKS;
             // Where not all is known yet it is looked for a way with less effort.
             int less = explorer.isIdle() || isLast ? 0 : FARTHER;
-            int found = foundWay(LOOKS << FARTHER * level >> less, true, isLast);
+            // What is near is preferred only if what is farther takes long.
+            boolean isEarly = level == 0 && !explorer.isIdle() && !isLast;
+            int found = isEarly ? Search.UNKNOWN : foundWay(LOOKS << FARTHER * level >> less, true, isLast);
             if (found == Search.FOUND) continue;
             if (isLast || found == Search.NO_WAY && explorer.isIdle()) settleGoals(LOOKS << FARTHER * level);
             else level++;
@@ -565,7 +568,7 @@ public final class Overloadery {
             boolean isReady = isDue && (modeOf(step) != Search.FOR_ALL || explorer.isIdle());
             if (isReady) {
                 explorer.makeRoom();
-                found = search.run(modeOf(step), NONE, limit);
+                found = search.run(modeOf(step), NONE, step < TOGETHER ? Math.max(limit, SEARCHED_ASIDE) : limit);
             } else if (isDue && step == WIDE) {
                 found = Search.UNKNOWN;
             }
