@@ -58,7 +58,7 @@ public final class Overloadery {
     private static final int GOALS_ANEW = 8;
     private static final int AT_LEAST = 9;
     private static final int DONE = 10;
-    private static final int TRIES = 1 << 6;
+    private static final int TRIES = 1 << 8;
     private static final int MOST_GATHERED = 4;
 
     private final Types table;
@@ -533,16 +533,18 @@ public final class Overloadery {
         boolean isDue = false;
         boolean isAhead = isWide && !isAside && explorer.isIdle();
         boolean isNarrow = false;
+        boolean hadSettled = false;
+        // Whether some come about just by what was chosen, so that what follows from them is not for good.
+        boolean isConditional = false;
         int step = isAhead ? ASIDE : isWide ? TOGETHER : GOALS;
         isAside = isAside || isAhead;
         for (int i = 0; i < TRIES && step < DONE; i++) {
             switch (step) {
                 case ASIDE:
-                    isDue = explorer.putsNumbered() || found != Search.FOUND;
-                    if (isDue) explorer.run(LOOKS_ASIDE);
-                    break;
                 case WIDE:
-                    isDue = !isNarrow && explorer.putsMet();
+                    isConditional = isConditional || bodies.hasChosen();
+                    if (step == ASIDE) isDue = explorer.putsNumbered() || found != Search.FOUND;
+                    else isDue = !isNarrow && explorer.putsMet();
                     if (isDue) explorer.run(LOOKS_ASIDE);
                     break;
                 case ASIDE_ANEW:
@@ -552,13 +554,14 @@ public final class Overloadery {
                     if (isDue) explorer.run(limit);
                     break;
                 case NARROW:
-                    isNarrow = true;
+                    isNarrow = !explorer.triesAnother(found == Search.NO_WAY);
+                    isConditional = false;
                     isDue = false;
-                    explorer.dropNumbered();
                     found = Search.UNKNOWN;
                     break;
                 case TOGETHER:
                     isDue = true;
+                    isConditional = false;
                     if (isAhead) explorer.dropNumbered();
                     if (isAhead) explorer.run(limit);
                     break;
@@ -568,12 +571,16 @@ public final class Overloadery {
             boolean isReady = isDue && (modeOf(step) != Search.FOR_ALL || explorer.isIdle());
             if (isReady) {
                 explorer.makeRoom();
-                found = search.run(modeOf(step), NONE, step < TOGETHER ? Math.max(limit, SEARCHED_ASIDE) : limit);
+                int most = step < TOGETHER ? Math.max(limit, SEARCHED_ASIDE) : limit;
+                found = search.run(modeOf(step), NONE, most, !isConditional);
             } else if (isDue && step == WIDE) {
                 found = Search.UNKNOWN;
             }
+            if (step < WIDE) hadSettled = bodies.hasSettled();
+            else if (step < NARROW && bodies.hasSettled() && !hadSettled) found = Search.NO_WAY;
             step = nextStep(step, step == WIDE ? isDue : isReady, found == Search.FOUND);
         }
+        bodies.setTaste(0);
         return found;
     }
 
@@ -610,9 +617,9 @@ public final class Overloadery {
             explorer.makeRoom();
             int goal = bodies.goal(i);
             if (bodies.isDecided(goal)) continue;
-            int found = search.run(Search.FOR_GOALS, goal, each);
-            if (found == Search.UNKNOWN) found = search.run(Search.AT_LEAST, goal, each);
-            int set = found == Search.NO_WAY ? 1 << Bodies.UNSURE : Bodies.preferred(bodies.setOf(goal));
+            int found = search.run(Search.FOR_GOALS, goal, each, true);
+            if (found == Search.UNKNOWN) found = search.run(Search.AT_LEAST, goal, each, true);
+            int set = found == Search.NO_WAY ? 1 << Bodies.UNSURE : bodies.preferred(goal);
             if (found != Search.FOUND) bodies.settle(goal, set);
         }
     }
@@ -1934,6 +1941,8 @@ public final class Overloadery {
         private static final int MOST_SUPPOSED = 40;
         private static final int RECENT = 1 << 8;
         static final int NOT_KEPT = -2;
+        private static final int MIX = 0x9E3779B1;
+        private static final int MIXED_AT = 16;
 
         private final Types types;
         private final Templates templates;
@@ -1957,6 +1966,7 @@ public final class Overloadery {
         private boolean isOver;
         private boolean hasChosen;
         private boolean hasSettled;
+        private int taste;
 
         Bodies(Types types, Templates templates) {
             this.types = types;
@@ -1972,9 +1982,26 @@ public final class Overloadery {
             return Integer.numberOfTrailingZeros(set);
         }
 
-        /** The body that is tried first, as a set. */
-        static int preferred(int set) {
-            return (set >> ITSELF & 1) == 1 ? 1 << ITSELF : set & -set;
+        /** The body of an instance that is tried first, as a set; it depends on the taste. */
+        int preferred(int id) {
+            int set = setOf(id);
+            if (taste == 0) return (set >> ITSELF & 1) == 1 ? 1 << ITSELF : set & -set;
+            if (taste == 1) return Integer.highestOneBit(set);
+            int mixed = (types.mixed(id) + taste) * MIX;
+            int left = (mixed >>> MIXED_AT) % Math.max(1, Integer.bitCount(set));
+            for (int i = 0; i < left; i++) {
+                set &= set - 1;
+            }
+            return set & -set;
+        }
+
+        int taste() {
+            return taste;
+        }
+
+        /** With another taste another way is found, if there is one. */
+        void setTaste(int taste) {
+            this.taste = taste;
         }
 
         /** Whether an instance has fewer bodies than it has for good. */
@@ -3064,7 +3091,8 @@ public final class Overloadery {
         private static final int MORE = 4;
         private static final int MOST_CHANGED = 1 << 17;
         /** How often what was chosen is forgotten for a question. */
-        private static final int MOST_REVOKED = 1 << 4;
+        private static final int MOST_REVOKED = 1 << 5;
+        private static final int MOST_TASTES = 1 << 3;
         private static final int MOST_MET = 1 << 13;
         private static final int MOST_SHORTS = 4;
 
@@ -3268,9 +3296,24 @@ public final class Overloadery {
             putAnew();
         }
 
+        /**
+         * Leaves just the goals. If what was chosen does not go with those that come about by way of it, it is forgotten, and
+         * chosen otherwise; tells whether there is another taste.
+         */
+        boolean triesAnother(boolean isClash) {
+            boolean isAnother = isClash && bodies.taste() < MOST_TASTES;
+            bodies.setTaste(isAnother ? bodies.taste() + 1 : 0);
+            if (isClash) {
+                revoked++;
+                bodies.forgetChosen();
+            }
+            dropNumbered();
+            return isAnother;
+        }
+
         /** What was chosen does not go with what was found: it is forgotten, and all begins anew. */
         boolean revokes() {
-            if (!bodies.hasChosen() || revoked == MOST_REVOKED) return false;
+            if (!bodies.hasChosen() || revoked >= MOST_REVOKED) return false;
             revoked++;
             bodies.forgetChosen();
             isAnew = true;
@@ -3680,10 +3723,13 @@ public final class Overloadery {
             nogoods = new Nogoods(types, bodies);
         }
 
-        /** Finds bodies for one, or for all that a mode tells, and keeps them if it does. */
-        int run(int mode, int only, int limit) {
+        /**
+         * Finds bodies for one, or for all that a mode tells, and keeps them if it does; what follows whatever is guessed
+         * perhaps for good.
+         */
+        int run(int mode, int only, int limit, boolean isForGood) {
             int last = look.looks() + limit;
-            boolean isSure = !bodies.hasChosen() && mode != AT_LEAST;
+            boolean isSure = isForGood && !bodies.hasChosen() && mode != AT_LEAST;
             begin(mode, only);
             for (int i = 0; i < MOST && phase != DONE; i++) {
                 if (look.isBusy()) {
@@ -3902,7 +3948,7 @@ public final class Overloadery {
 
         private void guess(int id) {
             bodies.startLevel();
-            narrow(id, Bodies.preferred(bodies.setOf(id)), GUESS);
+            narrow(id, bodies.preferred(id), GUESS);
         }
 
         /** Whether one needs not be judged: it follows, or is judged elsewhere, or it may have any body. */

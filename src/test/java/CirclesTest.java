@@ -18,6 +18,11 @@ public final class CirclesTest {
         test.noWay();
         test.severalWays();
         test.wayBelowAnotherCircle();
+        for (int cls = 0; cls < 2; cls++) {
+            test.wayLeftByOneInBase(cls, false);
+            test.wayLeftByOneInBase(cls, true);
+            test.wayLeftByOneThatIsNew(cls);
+        }
         test.longChain();
         test.bigCircle(2);
         test.bigCircle(13);
@@ -37,6 +42,65 @@ public final class CirclesTest {
     private static void classes(Overloadery x, int count) {
         for (int i = 0; i < count; i++) {
             x.addClass(0);
+        }
+    }
+
+    /**
+     * An instance of template 0, a cell, leads to class 0 or to class 1. One of template 2, a watch, has no body that goes with
+     * a cell of its type that leads to the class told, so that it leaves the other way alone. Template 4 is told elsewhere.
+     */
+    private static int cell(Overloadery x, int excluded) {
+        classes(x, 2);
+        int t0 = x.parameter(0);
+        for (int i = 0; i < 5; i++) {
+            x.addTemplate(i == 3 ? 2 : 1);
+        }
+        x.setBase(0, -1, x.instance(1, x.instance(0, t0, -1), -1));
+        x.specialise(1, t0, -1);
+        x.constrain(1, 0, 0, 'd', 0);
+        x.setBase(1, 0, x.classType(0));
+        x.setBase(1, -1, x.classType(1));
+        x.setBase(2, -1, x.instance(3, x.instance(2, t0, -1), x.instance(0, t0, -1)));
+        x.specialise(3, t0, x.parameter(1));
+        x.constrain(3, 0, 0, 'd', 0);
+        x.constrain(3, 0, 1, 'd', excluded);
+        x.setBase(3, 0, x.classType(1));
+        x.setBase(3, -1, x.classType(0));
+        return x.instance(0, 1, -1);
+    }
+
+    private void leadsTo(String name, Overloadery x, int type, int cls) {
+        c.due(name, () -> x.distance(type, x.classType(cls)), 2);
+        c.due(name + ", not to the other class", () -> x.distance(type, x.classType(1 - cls)), NO_ELEMENT);
+        c.due(name + ", its body", () -> x.chosenFor(x.instance(1, type, -1)), cls == 0 ? 0 : -1);
+    }
+
+    /** The watch has no number: it stands in the base of a type that has one. */
+    private void wayLeftByOneInBase(int cls, boolean isBehindPointer) {
+        Overloadery x = new Overloadery();
+        int cell = cell(x, 1 - cls);
+        int t0 = x.parameter(0);
+        int watch = x.instance(2, t0, -1);
+        x.specialise(4, x.pointerTo(t0), -1);
+        x.setBase(4, 0, x.instance(4, isBehindPointer ? x.pointerTo(watch) : watch, -1));
+        x.instance(4, x.pointerTo(1), -1);
+        leadsTo("a way left by one in a base", x, cell, cls);
+    }
+
+    /** The watch gets its number when the cell was asked for already. */
+    private void wayLeftByOneThatIsNew(int cls) {
+        Overloadery x = new Overloadery();
+        int cell = cell(x, 1 - cls);
+        c.due("it leads to one class", () -> leads(x, cell, 0) != leads(x, cell, 1), true);
+        x.instance(2, 1, -1);
+        leadsTo("a way left by one that is new", x, cell, cls);
+    }
+
+    private static boolean leads(Overloadery x, int type, int cls) {
+        try {
+            return x.distance(type, x.classType(cls)) > 0;
+        } catch (java.util.NoSuchElementException e) {
+            return false;
         }
     }
 

@@ -322,58 +322,59 @@ final class Model {
 
     /** If it is told, answers go by this way. */
     private Map<Type, Integer> fixed;
-    private final Set<Type> world = new LinkedHashSet<>();
     private final List<Map<Type, Integer>> ways = new ArrayList<>();
+    private final List<Type> world = new ArrayList<>();
+    private final Set<Type> met = new HashSet<>();
 
-    /** Finds all ways for the types with numbers, the types in them, their bases, and all on which these depend. */
+    /**
+     * Finds all ways to choose the bodies of the instances that come about by way of the types with numbers: those in them,
+     * their bases, and so on. Tells how many there are; -1 if there are too many instances, or too many ways to try.
+     */
     int findWays(int mostInstances, int mostTries) {
         forget();
-        world.clear();
         ways.clear();
-        ArrayDeque<Type> queue = new ArrayDeque<>();
-        for (Type type : types) {
-            if (!type.isOpen()) queue.add(type);
-        }
-        Set<Type> seen = new HashSet<>();
-        while (!queue.isEmpty()) {
-            Type type = queue.poll();
-            if (!seen.add(type)) continue;
-            queue.addAll(type.parts);
-            if (type.kind != 'i') continue;
-            world.add(type);
-            if (world.size() > mostInstances) return -1;
-            for (int body = -2; body < templates.get(type.number).specialisations.size(); body++) {
-                Type base = fits(type, body) ? base(type, body) : null;
-                if (base != null) queue.add(base);
-            }
-        }
         way.clear();
+        world.clear();
+        met.clear();
         tries = 0;
-        choose(new ArrayList<>(world), 0, mostTries);
-        boolean isOver = tries > mostTries;
+        for (Type type : types) {
+            if (!type.isOpen()) meet(type, new ArrayList<>());
+        }
+        boolean areAllFound = choose(0, mostInstances, mostTries);
         way.clear();
         forget();
-        return isOver ? -1 : ways.size();
+        return areAllFound ? ways.size() : -1;
     }
 
-    private void choose(List<Type> all, int at, int mostTries) {
-        if (++tries > mostTries || ways.size() > 200) {
-            tries = mostTries + 1;
-            return;
-        }
-        if (at == all.size()) {
+    private void meet(Type type, List<Type> added) {
+        if (type == null || !met.add(type)) return;
+        added.add(type);
+        for (Type part : type.parts) meet(part, added);
+        if (type.kind == 'i') world.add(type);
+    }
+
+    private boolean choose(int at, int mostInstances, int mostTries) {
+        if (++tries > mostTries || ways.size() > 200 || world.size() > mostInstances) return false;
+        if (at == world.size()) {
             ways.add(new HashMap<>(way));
-            return;
+            return true;
         }
-        Type type = all.get(at);
+        Type type = world.get(at);
         for (int body = -2; body < templates.get(type.number).specialisations.size(); body++) {
             if (!fits(type, body)) continue;
             way.put(type, body);
             boolean isGood = true;
             for (Type other : way.keySet()) isGood = isGood && goes(other);
-            if (isGood) choose(all, at + 1, mostTries);
+            List<Type> added = new ArrayList<>();
+            int before = world.size();
+            if (isGood) meet(base(type, body), added);
+            boolean areAllFound = !isGood || choose(at + 1, mostInstances, mostTries);
+            while (world.size() > before) world.remove(world.size() - 1);
+            added.forEach(met::remove);
             way.remove(type);
+            if (!areAllFound) return false;
         }
+        return true;
     }
 
     /** Lets all answers go by one of the ways, or by none. */

@@ -7,13 +7,14 @@ import java.util.Set;
 
 /**
  * Templates whose instances ask for one another, with functions and arguments: each answer is right for one of the ways to
- * choose bodies which the document leaves, all of which Model tries; so it is the same if it is the same for all.
+ * choose bodies which the document leaves, all of which Model tries; so it is the same if it is the same for all. There are
+ * gates and wires in some runs, and in others cells, each of which may have two ways, and watches, which may leave one alone.
  */
 public final class WayRuns {
     private static final int RUNS = Integer.getInteger("runs", 400);
     private static final int FIRST = Integer.getInteger("first", 0);
     private static final int INSTANCES = 30;
-    private static final int TRIES = 20_000;
+    private static final int TRIES = 2_000;
 
     private final Checks checks;
     private final Random random;
@@ -27,6 +28,7 @@ public final class WayRuns {
     private int wires;
     private int gates;
     private int twofold;
+    private boolean hasCells;
     private int ways;
     private static int several;
     private static int many;
@@ -44,9 +46,8 @@ public final class WayRuns {
         for (int seed = FIRST; seed < FIRST + RUNS; seed++) {
             WayRuns one = new WayRuns(seed, checks);
             one.putClasses();
-            one.putGates();
-            one.putWires();
-            if (seed % 2 == 1) one.putMoreBases();
+            if (seed % 4 > 1) one.putCells(seed % 4 == 3);
+            else one.putGatesAndWires(seed % 4 == 1);
             one.putFunctions();
             one.ways = one.m.findWays(INSTANCES, TRIES);
             if (one.ways <= 0) continue;
@@ -78,6 +79,12 @@ public final class WayRuns {
         for (int i = 0; i < 3; i++) {
             parameters[i] = both("parameter(" + i + ")", x.parameter(i), m.parameter(i));
         }
+    }
+
+    private void putGatesAndWires(boolean areMore) {
+        putGates();
+        putWires();
+        if (areMore) putMoreBases();
     }
 
     private void putGates() {
@@ -170,6 +177,88 @@ public final class WayRuns {
                 x.instance(template, one, other), m.instance(template, one, other));
     }
 
+    // ---- cells
+
+    /**
+     * The base of an instance of template 0, a cell, asks for this one; that of one of template 2, a watch, asks for the
+     * watch and for others. Instances of template 4 have these in their bases, where they have no numbers.
+     */
+    private void putCells(boolean areWatchesBehind) {
+        hasCells = true;
+        for (int i = 0; i < 5; i++) {
+            int howMany = i == 3 ? 2 : 1;
+            both("addTemplate(" + howMany + ")", x.addTemplate(howMany), m.addTemplate(howMany));
+        }
+        int any = parameters[0];
+        int cell = instance(0, any, -1);
+        if (areWatchesBehind) putBase(0, -1, instance(3, cell, any));
+        else if (random.nextInt(4) > 0) putBase(0, -1, instance(1, cell, -1));
+        else putBase(0, -1, instance(3, cell, instance(0, pointers(any, 1), -1)));
+        putTable(1, any, -1, false);
+        putTable(3, any, parameters[1], areWatchesBehind);
+        putBase(2, -1, instance(3, cellOrWatch(any), cellOrWatch(any)));
+        if (random.nextInt(3) == 0) {
+            specialise(2, pointers(any, 1), -1);
+            putBase(2, 0, instance(3, cellOrWatch(any), cellOrWatch(any)));
+        }
+        specialise(4, pointers(any, 1), -1);
+        putBase(4, 0, instance(4, anyOf(any), -1));
+        if (random.nextBoolean()) {
+            specialise(4, instance(2, any, -1), -1);
+            putBase(4, 1, instance(4, anyOf(any), -1));
+        }
+        if (areWatchesBehind || random.nextInt(4) == 0) putClassAsBase(4, -1);
+        int asked = 1 + random.nextInt(4);
+        for (int i = 0; i < asked; i++) {
+            closed.add(cellOrSo());
+        }
+    }
+
+    /** A template with constraints, the first one of which is about the one that asks. */
+    private void putTable(int template, int first, int second, boolean areWatchesBehind) {
+        putClassAsBase(template, -1);
+        int howMany = 1 + random.nextInt(3);
+        for (int i = 0; i < howMany; i++) {
+            specialise(template, first, second);
+            if (areWatchesBehind && random.nextInt(3) > 0) putBase(template, i, instance(4, anyOf(second), -1));
+            else putClassAsBase(template, i);
+            int constraints = 1 + random.nextInt(second == -1 ? 2 : 3);
+            for (int j = 0; j < constraints; j++) {
+                int parameter = second == -1 || j == 0 ? 0 : random.nextInt(2);
+                int cls = random.nextInt(classes.size());
+                both("constrain(" + template + ", " + i + ", " + parameter + ", 'd', " + cls + ")",
+                        x.constrain(template, i, parameter, 'd', cls), m.constrain(template, i, parameter, 'd', cls));
+            }
+        }
+    }
+
+    private int cellOrWatch(int type) {
+        int template = random.nextInt(3) == 0 ? 0 : 2;
+        return instance(template, pointers(type, random.nextInt(4) == 0 ? 1 : 0), -1);
+    }
+
+    private int anyOf(int type) {
+        int one = cellOrWatch(type);
+        return random.nextInt(4) == 0 ? instance(4, one, -1) : one;
+    }
+
+    private int cellOrSo() {
+        int type = pointers(random.nextInt(2), random.nextInt(3));
+        return instance(random.nextInt(2) * (1 + random.nextInt(2)) * 2, type, -1);
+    }
+
+    private int instance(int template, int first, int second) {
+        return both("instance(" + template + ", " + first + ", " + second + ")",
+                x.instance(template, first, second), m.instance(template, first, second));
+    }
+
+    private void specialise(int template, int first, int second) {
+        both("specialise(" + template + ", " + first + ", " + second + ")",
+                x.specialise(template, first, second), m.specialise(template, first, second));
+    }
+
+    // ---- what is asked
+
     private void putFunctions() {
         int count = 1 + random.nextInt(5);
         for (int i = 0; i < count; i++) {
@@ -200,6 +289,11 @@ public final class WayRuns {
 
     private void ask() {
         for (int i = 0; i < 6; i++) {
+            if (i > 0 && random.nextBoolean()) {
+                closed.add(hasCells ? cellOrSo() : gate(random.nextInt(3), false));
+                ways = m.findWays(INSTANCES, TRIES);
+                if (ways <= 0) return;
+            }
             x.clearArguments();
             m.clearArguments();
             log.add("clearArguments()");
