@@ -34,6 +34,7 @@ public final class Overloadery {
     private static final int LEVELS = 4;
     private static final int LOOKS_ASIDE = 1 << 14;
     private static final int SEARCHED_ASIDE = 1 << 16;
+    private static final int TRIED_ASIDE = 1 << 17;
     private static final int MOST_LOOKS = 1 << 23;
     private static final int ALL_LOOKS = 1 << 24;
     /** How far a walk goes in a turn, how often is looked in it, also if nothing else goes on, and how many turns there are. */
@@ -58,7 +59,7 @@ public final class Overloadery {
     private static final int GOALS_ANEW = 8;
     private static final int AT_LEAST = 9;
     private static final int DONE = 10;
-    private static final int TRIES = 1 << 8;
+    private static final int TRIES = 1 << 10;
     private static final int MOST_GATHERED = 4;
 
     private final Types table;
@@ -536,6 +537,7 @@ public final class Overloadery {
         boolean hadSettled = false;
         // Whether some come about just by what was chosen, so that what follows from them is not for good.
         boolean isConditional = false;
+        int last = look.looks() + TRIED_ASIDE;
         int step = isAhead ? ASIDE : isWide ? TOGETHER : GOALS;
         isAside = isAside || isAhead;
         for (int i = 0; i < TRIES && step < DONE; i++) {
@@ -554,7 +556,7 @@ public final class Overloadery {
                     if (isDue) explorer.run(limit);
                     break;
                 case NARROW:
-                    isNarrow = !explorer.triesAnother(found == Search.NO_WAY);
+                    isNarrow = !explorer.triesAnother(found == Search.NO_WAY, look.looks() < last);
                     isConditional = false;
                     isDue = false;
                     found = Search.UNKNOWN;
@@ -3092,7 +3094,7 @@ public final class Overloadery {
         private static final int MOST_CHANGED = 1 << 17;
         /** How often what was chosen is forgotten for a question. */
         private static final int MOST_REVOKED = 1 << 5;
-        private static final int MOST_TASTES = 1 << 3;
+        private static final int MOST_TASTES = 1 << 6;
         private static final int MOST_MET = 1 << 13;
         private static final int MOST_SHORTS = 4;
 
@@ -3300,8 +3302,8 @@ public final class Overloadery {
          * Leaves just the goals. If what was chosen does not go with those that come about by way of it, it is forgotten, and
          * chosen otherwise; tells whether there is another taste.
          */
-        boolean triesAnother(boolean isClash) {
-            boolean isAnother = isClash && bodies.taste() < MOST_TASTES;
+        boolean triesAnother(boolean isClash, boolean isInTime) {
+            boolean isAnother = isClash && isInTime && bodies.taste() < MOST_TASTES;
             bodies.setTaste(isAnother ? bodies.taste() + 1 : 0);
             if (isClash) {
                 revoked++;
