@@ -60,6 +60,7 @@ public final class Overloadery {
     private static final int AT_LEAST = 9;
     private static final int DONE = 10;
     private static final int TRIES = 1 << 10;
+    private static final int MOST_BLAMED = 1 << 6;
     private static final int MOST_GATHERED = 4;
 
     private final Types table;
@@ -75,6 +76,12 @@ public final class Overloadery {
     private final Making making;
     /** Whether bodies were looked for beside a question, too. */
     private boolean isAside;
+    /** Whether those are left out that come about by way of types with numbers, and whether some do just by what was chosen. */
+    private boolean isNarrow;
+    private boolean isConditional;
+    private boolean hadSettled;
+    private boolean isBlamed;
+    private int lastAside;
     /** How often what was chosen had been forgotten when candidates were found. */
     private int gathered;
 
@@ -530,60 +537,77 @@ public final class Overloadery {
      * earlier is forgotten if it does not go with them.
      */
     private int foundWay(int limit, boolean isWide, boolean isLast) {
-        int found = Search.UNKNOWN;
-        boolean isDue = false;
         boolean isAhead = isWide && !isAside && explorer.isIdle();
-        boolean isNarrow = false;
-        boolean hadSettled = false;
-        // Whether some come about just by what was chosen, so that what follows from them is not for good.
-        boolean isConditional = false;
-        int last = look.looks() + TRIED_ASIDE;
-        int step = isAhead ? ASIDE : isWide ? TOGETHER : GOALS;
         isAside = isAside || isAhead;
+        isNarrow = false;
+        isConditional = false;
+        hadSettled = false;
+        isBlamed = false;
+        lastAside = look.looks() + TRIED_ASIDE;
+        int found = Search.UNKNOWN;
+        int step = isAhead ? ASIDE : isWide ? TOGETHER : GOALS;
         for (int i = 0; i < TRIES && step < DONE; i++) {
-            switch (step) {
-                case ASIDE:
-                case WIDE:
-                    isConditional = isConditional || bodies.hasChosen();
-                    if (step == ASIDE) isDue = explorer.putsNumbered() || found != Search.FOUND;
-                    else isDue = !isNarrow && explorer.putsMet();
-                    if (isDue) explorer.run(LOOKS_ASIDE);
-                    break;
-                case ASIDE_ANEW:
-                case WIDE_ANEW:
-                case ANEW:
-                    isDue = found == Search.NO_WAY && explorer.revokes();
-                    if (isDue) explorer.run(limit);
-                    break;
-                case NARROW:
-                    isNarrow = !explorer.triesAnother(found == Search.NO_WAY, look.looks() < last);
-                    isConditional = false;
-                    isDue = false;
-                    found = Search.UNKNOWN;
-                    break;
-                case TOGETHER:
-                    isDue = true;
-                    isConditional = false;
-                    if (isAhead) explorer.dropNumbered();
-                    if (isAhead) explorer.run(limit);
-                    break;
-                default:
-                    isDue = step != AT_LEAST || isLast;
-            }
+            boolean isDue = prepares(step, found, limit, isAhead, isLast);
             boolean isReady = isDue && (modeOf(step) != Search.FOR_ALL || explorer.isIdle());
             if (isReady) {
                 explorer.makeRoom();
                 int most = step < TOGETHER ? Math.max(limit, SEARCHED_ASIDE) : limit;
                 found = search.run(modeOf(step), NONE, most, !isConditional);
-            } else if (isDue && step == WIDE) {
+            } else if (isDue && step == WIDE || step == NARROW) {
                 found = Search.UNKNOWN;
             }
             if (step < WIDE) hadSettled = bodies.hasSettled();
             else if (step < NARROW && bodies.hasSettled() && !hadSettled) found = Search.NO_WAY;
+            if (step == WIDE && found == Search.NO_WAY) blame();
             step = nextStep(step, step == WIDE ? isDue : isReady, found == Search.FOUND);
         }
         bodies.setTaste(0);
         return found;
+    }
+
+    /** Prepares to search in a step, and tells whether it is to be done. */
+    private boolean prepares(int step, int found, int limit, boolean isAhead, boolean isLast) {
+        boolean isDue = true;
+        switch (step) {
+            case ASIDE:
+            case WIDE:
+                isConditional = isConditional || bodies.hasChosen();
+                if (step == ASIDE) isDue = explorer.putsNumbered() || found != Search.FOUND;
+                else isDue = !isNarrow && walk.putsMet();
+                if (isDue) explorer.run(LOOKS_ASIDE);
+                return isDue;
+            case ASIDE_ANEW:
+            case WIDE_ANEW:
+            case ANEW:
+                isDue = found == Search.NO_WAY && explorer.revokes();
+                if (isDue) explorer.run(limit);
+                return isDue;
+            case NARROW:
+                isNarrow = !explorer.triesAnother(found == Search.NO_WAY, look.looks() < lastAside, isBlamed);
+                isConditional = false;
+                isBlamed = false;
+                return false;
+            case TOGETHER:
+                isConditional = false;
+                if (isAhead) explorer.dropNumbered();
+                if (isAhead) explorer.run(limit);
+                return true;
+            default:
+                return step != AT_LEAST || isLast;
+        }
+    }
+
+    /**
+     * One that comes about by what was chosen has no body: so another body is tried first for the last one that was chosen on
+     * the way to it, or, if this was done already, for the one ahead of that.
+     */
+    private void blame() {
+        boolean isSettled = bodies.hasSettled() && !hadSettled;
+        int id = isSettled ? explorer.settled() : search.clashed();
+        for (int i = 0; i < MOST_BLAMED && id != NONE && !isBlamed; i++) {
+            id = walk.chosenAhead(id);
+            isBlamed = id != NONE && bodies.dislikes(id);
+        }
     }
 
     private static int modeOf(int step) {
@@ -1945,6 +1969,8 @@ public final class Overloadery {
         static final int NOT_KEPT = -2;
         private static final int MIX = 0x9E3779B1;
         private static final int MIXED_AT = 16;
+        private static final int MOST_DISLIKED = 1 << 6;
+        private static final int DISLIKED_AT = 32;
 
         private final Types types;
         private final Templates templates;
@@ -1969,6 +1995,9 @@ public final class Overloadery {
         private boolean hasChosen;
         private boolean hasSettled;
         private int taste;
+        /** The bodies that are tried last: the instance as a mixed number, and the bodies. */
+        private final long[] disliked = new long[MOST_DISLIKED];
+        private int dislikes;
 
         Bodies(Types types, Templates templates) {
             this.types = types;
@@ -1987,6 +2016,8 @@ public final class Overloadery {
         /** The body of an instance that is tried first, as a set; it depends on the taste. */
         int preferred(int id) {
             int set = setOf(id);
+            int others = set & ~disliked(id);
+            if (others != 0) set = others;
             if (taste == 0) return (set >> ITSELF & 1) == 1 ? 1 << ITSELF : set & -set;
             if (taste == 1) return Integer.highestOneBit(set);
             int mixed = (types.mixed(id) + taste) * MIX;
@@ -2004,6 +2035,32 @@ public final class Overloadery {
         /** With another taste another way is found, if there is one. */
         void setTaste(int taste) {
             this.taste = taste;
+            dislikes = 0;
+        }
+
+        /**
+         * Lets the bodies that an instance has be tried last; it is told by what it is made of, as ids do not last. Tells
+         * whether it was not so yet.
+         */
+        boolean dislikes(int id) {
+            int set = setOf(id);
+            if ((set & ~disliked(id)) == 0 || dislikes == MOST_DISLIKED) return false;
+            disliked[dislikes++] = (long) types.mixed(id) << DISLIKED_AT | set;
+            return true;
+        }
+
+        /** The bodies of an instance that are tried last. */
+        int disliked(int id) {
+            int set = 0;
+            int mixed = dislikes == 0 ? 0 : types.mixed(id);
+            for (int i = 0; i < dislikes; i++) {
+                if ((int) (disliked[i] >> DISLIKED_AT) == mixed) set |= (int) disliked[i] & ALL;
+            }
+            return set;
+        }
+
+        boolean hasDislikes() {
+            return dislikes > 0;
         }
 
         /** Whether an instance has fewer bodies than it has for good. */
@@ -3095,7 +3152,6 @@ public final class Overloadery {
         /** How often what was chosen is forgotten for a question. */
         private static final int MOST_REVOKED = 1 << 5;
         private static final int MOST_TASTES = 1 << 6;
-        private static final int MOST_MET = 1 << 13;
         private static final int MOST_SHORTS = 4;
 
         private final Types types;
@@ -3124,9 +3180,8 @@ public final class Overloadery {
         private int changes = NONE;
         private int revoked;
         private int numbered;
-        /** Those that come about by way of types that have numbers. */
-        private int[] met = new int[FEW];
-        private int metCount;
+        /** The one that was settled last, as no body goes with it. */
+        private int settled = NONE;
         /** The goals whose bodies became fewer, as far as there is room. */
         private final int[] woken = new int[MOST_WOKEN];
         private int wokenCount;
@@ -3196,6 +3251,10 @@ public final class Overloadery {
             isStuck = false;
         }
 
+        int settled() {
+            return settled;
+        }
+
         int woken() {
             return wokenCount;
         }
@@ -3252,46 +3311,6 @@ public final class Overloadery {
             return isNew;
         }
 
-        /**
-         * Puts the instances that come about by way of the types that have numbers: those in them, their bases as far as they
-         * are known, those in these, and so on; tells whether any of them was not there yet.
-         */
-        boolean putsMet() {
-            boolean isNew = false;
-            metCount = 0;
-            for (int i = 0; i < types.numbered(); i++) {
-                meet(types.id(i));
-            }
-            for (int i = 0; i < metCount; i++) {
-                int id = met[i];
-                int head = types.headOf(id);
-                meet(types.first(id));
-                if (head >= Types.TWOFOLD) meet(types.second(id));
-                if (head < Types.SINGLE) continue;
-                int set = bodies.setOf(id);
-                if (bodies.isOpen(id) && !bodies.is(id, Bodies.MEMBER)) {
-                    bodies.mark(id, Bodies.NUMBERED);
-                    put(id);
-                    isNew = true;
-                }
-                if (Bodies.isSingle(set)) meet(bodies.baseAt(id, Bodies.code(set)));
-            }
-            for (int i = 0; i < metCount; i++) {
-                bodies.unmark(met[i], Bodies.MET);
-            }
-            return isNew;
-        }
-
-        private void meet(int id) {
-            if (id < Types.POINTER || bodies.is(id, Bodies.MET) || types.isShort()) return;
-            if (metCount == met.length) {
-                if (metCount == MOST_MET) return;
-                met = Arrays.copyOf(met, Math.min(MOST_MET, metCount << MORE));
-            }
-            bodies.mark(id, Bodies.MET);
-            met[metCount++] = id;
-        }
-
         /** Leaves just the goals. */
         void dropNumbered() {
             bodies.unmarkAll(Bodies.NUMBERED);
@@ -3302,9 +3321,10 @@ public final class Overloadery {
          * Leaves just the goals. If what was chosen does not go with those that come about by way of it, it is forgotten, and
          * chosen otherwise; tells whether there is another taste.
          */
-        boolean triesAnother(boolean isClash, boolean isInTime) {
-            boolean isAnother = isClash && isInTime && bodies.taste() < MOST_TASTES;
-            bodies.setTaste(isAnother ? bodies.taste() + 1 : 0);
+        boolean triesAnother(boolean isClash, boolean isInTime, boolean hasNewDislike) {
+            boolean isAnother = isClash && isInTime && (hasNewDislike || bodies.taste() < MOST_TASTES);
+            if (!isAnother) bodies.setTaste(0);
+            else if (!hasNewDislike) bodies.setTaste(bodies.taste() + 1);
             if (isClash) {
                 revoked++;
                 bodies.forgetChosen();
@@ -3403,6 +3423,7 @@ public final class Overloadery {
                 if (revokes()) return false;
                 // No body goes with what is known: it is not sure.
                 bodies.settle(id, 1 << Bodies.UNSURE);
+                settled = id;
             } else if (set != before) {
                 bodies.learn(id, look.set(), !chains.isChosen());
             }
@@ -3716,6 +3737,9 @@ public final class Overloadery {
         private int restarts;
         /** Whether something was left out, so that it is not known that there is no way. */
         private boolean isCut;
+        private int clashed = NONE;
+        /** How many of the path are there first, as they have bodies that are tried last. */
+        private int bottom;
 
         Search(Types types, Bodies bodies, Chains chains, Look look) {
             this.types = types;
@@ -3769,6 +3793,17 @@ public final class Overloadery {
             judgedStrict = mode == FOR_ALL ? Types.POINTER : types.count;
             restarts = 0;
             isCut = false;
+            if (mode == FOR_ALL && bodies.hasDislikes()) enterDisliked();
+            bottom = height;
+        }
+
+        /** Those with bodies that are tried last are sought first, and guessed first. */
+        private void enterDisliked() {
+            for (int id = Types.POINTER; id < types.count && height < FEW; id++) {
+                if (!bodies.is(id, Bodies.EXPANDED) || bodies.isDecided(id) || bodies.disliked(id) == 0) continue;
+                bodies.mark(id, Bodies.ON_PATH);
+                path[height++] = id;
+            }
         }
 
         /** The next one that must have a body, NONE if there is none. */
@@ -3894,6 +3929,7 @@ public final class Overloadery {
             while (height > 0 && bodies.isDecided(path[height - 1])) {
                 bodies.unmark(path[--height], Bodies.ON_PATH);
             }
+            bottom = Math.min(bottom, height);
             if (height > 0) {
                 lookAt(path[height - 1], DESCENDED);
                 return;
@@ -3949,8 +3985,12 @@ public final class Overloadery {
         }
 
         private void guess(int id) {
+            int which = id;
+            for (int i = 0; i < height && i < FEW && bodies.hasDislikes(); i++) {
+                if (!bodies.isDecided(path[i]) && bodies.disliked(path[i]) != 0) which = path[i];
+            }
             bodies.startLevel();
-            narrow(id, bodies.preferred(id), GUESS);
+            narrow(which, bodies.preferred(which), GUESS);
         }
 
         /** Whether one needs not be judged: it follows, or is judged elsewhere, or it may have any body. */
@@ -4000,7 +4040,13 @@ public final class Overloadery {
             }
         }
 
+        /** The one that was sought when something clashed last. */
+        int clashed() {
+            return clashed;
+        }
+
         private void startBack(int set) {
+            clashed = height > bottom ? path[bottom] : one;
             if (chains.isPartial() || (bodies.setOf(one) & ~set) != 0) {
                 end(UNKNOWN);
                 return;
@@ -4604,6 +4650,9 @@ public final class Overloadery {
         private static final int MOST_STEPS = 1 << 24;
         private static final int MOST_STEPS_ALONE = 1 << 22;
         private static final int MIXED = Frontier.ORDERS;
+        private static final int MOST_MET = 1 << 13;
+        private static final int FEW = 1 << 6;
+        private static final int MORE = 4;
 
         private final Types types;
         private final Hierarchy hierarchy;
@@ -4623,6 +4672,10 @@ public final class Overloadery {
         private boolean hasSkipped;
         /** Whether an order came to its end, as there was no room. */
         private boolean isOut;
+        /** Those that come about by way of types that have numbers; for each the place of the last chosen one ahead of it. */
+        private int[] met = new int[FEW];
+        private int[] ahead = new int[FEW];
+        private int metCount;
 
         Walk(Types types, Hierarchy hierarchy, Templates templates, Bodies bodies, Explorer explorer, Frontier frontier) {
             this.types = types;
@@ -4788,6 +4841,65 @@ public final class Overloadery {
             }
             if (base != NONE) put(base);
             return true;
+        }
+
+        // ---- those that come about by way of types that have numbers
+
+        /** Puts the instances among them for which it is not known what goes; tells whether any of them was not there yet. */
+        boolean putsMet() {
+            boolean isNew = false;
+            findMet();
+            for (int i = 0; i < metCount; i++) {
+                int id = met[i];
+                boolean isOpen = types.headOf(id) >= Types.SINGLE && bodies.isOpen(id);
+                if (!isOpen || bodies.is(id, Bodies.MEMBER)) continue;
+                bodies.mark(id, Bodies.NUMBERED);
+                explorer.put(id);
+                isNew = true;
+            }
+            return isNew;
+        }
+
+        /** The last one whose body was chosen on the way on which an instance comes about; NONE if there is none. */
+        int chosenAhead(int id) {
+            findMet();
+            for (int i = 0; i < metCount; i++) {
+                if (met[i] == id) return ahead[i] == NONE ? NONE : met[ahead[i]];
+            }
+            return NONE;
+        }
+
+        /** Finds those in the types that have numbers, their bases as far as they are known, those in these, and so on. */
+        private void findMet() {
+            metCount = 0;
+            for (int i = 0; i < types.numbered(); i++) {
+                meet(types.id(i), NONE);
+            }
+            for (int i = 0; i < metCount; i++) {
+                int id = met[i];
+                int head = types.headOf(id);
+                meet(types.first(id), ahead[i]);
+                if (head >= Types.TWOFOLD) meet(types.second(id), ahead[i]);
+                if (head < Types.SINGLE) continue;
+                int set = bodies.setOf(id);
+                boolean isChosen = Bodies.isChosen(types.infos[id]);
+                if (Bodies.isSingle(set)) meet(bodies.baseAt(id, Bodies.code(set)), isChosen ? i : ahead[i]);
+            }
+            for (int i = 0; i < metCount; i++) {
+                bodies.unmark(met[i], Bodies.MET);
+            }
+        }
+
+        private void meet(int id, int chosen) {
+            if (id < Types.POINTER || bodies.is(id, Bodies.MET) || types.isShort()) return;
+            if (metCount == met.length) {
+                if (metCount == MOST_MET) return;
+                met = Arrays.copyOf(met, Math.min(MOST_MET, metCount << MORE));
+                ahead = Arrays.copyOf(ahead, met.length);
+            }
+            bodies.mark(id, Bodies.MET);
+            ahead[metCount] = chosen;
+            met[metCount++] = id;
         }
 
         // ---- those whose bodies must be found first
