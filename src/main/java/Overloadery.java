@@ -538,16 +538,39 @@ public final class Overloadery {
      */
     private int foundWay(int limit, boolean isWide, boolean isLast) {
         boolean isAhead = isWide && !isAside && explorer.isIdle();
-        isAside = isAside || isAhead;
-        isNarrow = false;
-        isConditional = false;
-        hadSettled = false;
-        isBlamed = false;
-        lastAside = look.looks() + TRIED_ASIDE;
         int found = Search.UNKNOWN;
         int step = isAhead ? ASIDE : isWide ? TOGETHER : GOALS;
+        beginWay(isAhead);
         for (int i = 0; i < TRIES && step < DONE; i++) {
-            boolean isDue = prepares(step, found, limit, isAhead, isLast);
+            boolean isDue = true;
+            switch (step) {
+                case ASIDE:
+                case WIDE:
+                    isConditional = isConditional || bodies.hasChosen();
+                    if (step == ASIDE) isDue = explorer.putsNumbered() || found != Search.FOUND;
+                    else isDue = !isNarrow && walk.putsMet();
+                    if (isDue) explorer.run(LOOKS_ASIDE);
+                    break;
+                case ASIDE_ANEW:
+                case WIDE_ANEW:
+                case ANEW:
+                    isDue = found == Search.NO_WAY && explorer.revokes();
+                    if (isDue) explorer.run(limit);
+                    break;
+                case NARROW:
+                    isDue = false;
+                    isNarrow = !explorer.triesAnother(found == Search.NO_WAY, look.looks() < lastAside, isBlamed);
+                    isConditional = false;
+                    explorer.dropNumbered();
+                    break;
+                case TOGETHER:
+                    isConditional = false;
+                    if (isAhead) explorer.dropNumbered();
+                    if (isAhead) explorer.run(limit);
+                    break;
+                default:
+                    isDue = step != AT_LEAST || isLast;
+            }
             boolean isReady = isDue && (modeOf(step) != Search.FOR_ALL || explorer.isIdle());
             if (isReady) {
                 explorer.makeRoom();
@@ -558,56 +581,34 @@ public final class Overloadery {
             }
             if (step < WIDE) hadSettled = bodies.hasSettled();
             else if (step < NARROW && bodies.hasSettled() && !hadSettled) found = Search.NO_WAY;
-            if (step == WIDE && found == Search.NO_WAY) blame();
+            if (step == WIDE) isBlamed = found == Search.NO_WAY && isBlameFound();
             step = nextStep(step, step == WIDE ? isDue : isReady, found == Search.FOUND);
         }
         bodies.setTaste(0);
         return found;
     }
 
-    /** Prepares to search in a step, and tells whether it is to be done. */
-    private boolean prepares(int step, int found, int limit, boolean isAhead, boolean isLast) {
-        boolean isDue = true;
-        switch (step) {
-            case ASIDE:
-            case WIDE:
-                isConditional = isConditional || bodies.hasChosen();
-                if (step == ASIDE) isDue = explorer.putsNumbered() || found != Search.FOUND;
-                else isDue = !isNarrow && walk.putsMet();
-                if (isDue) explorer.run(LOOKS_ASIDE);
-                return isDue;
-            case ASIDE_ANEW:
-            case WIDE_ANEW:
-            case ANEW:
-                isDue = found == Search.NO_WAY && explorer.revokes();
-                if (isDue) explorer.run(limit);
-                return isDue;
-            case NARROW:
-                isNarrow = !explorer.triesAnother(found == Search.NO_WAY, look.looks() < lastAside, isBlamed);
-                isConditional = false;
-                isBlamed = false;
-                return false;
-            case TOGETHER:
-                isConditional = false;
-                if (isAhead) explorer.dropNumbered();
-                if (isAhead) explorer.run(limit);
-                return true;
-            default:
-                return step != AT_LEAST || isLast;
-        }
+    private void beginWay(boolean isAhead) {
+        isAside = isAside || isAhead;
+        isNarrow = false;
+        isConditional = false;
+        hadSettled = false;
+        isBlamed = false;
+        lastAside = look.looks() + TRIED_ASIDE;
     }
 
     /**
      * One that comes about by what was chosen has no body: so another body is tried first for the last one that was chosen on
      * the way to it, or, if this was done already, for the one ahead of that.
      */
-    private void blame() {
+    private boolean isBlameFound() {
         boolean isSettled = bodies.hasSettled() && !hadSettled;
         int id = isSettled ? explorer.settled() : search.clashed();
-        for (int i = 0; i < MOST_BLAMED && id != NONE && !isBlamed; i++) {
+        for (int i = 0; i < MOST_BLAMED && id != NONE; i++) {
             id = walk.chosenAhead(id);
-            isBlamed = id != NONE && bodies.dislikes(id);
+            if (id != NONE && bodies.dislikes(id)) return true;
         }
+        return false;
     }
 
     private static int modeOf(int step) {
@@ -645,7 +646,7 @@ public final class Overloadery {
             if (bodies.isDecided(goal)) continue;
             int found = search.run(Search.FOR_GOALS, goal, each, true);
             if (found == Search.UNKNOWN) found = search.run(Search.AT_LEAST, goal, each, true);
-            int set = found == Search.NO_WAY ? 1 << Bodies.UNSURE : bodies.preferred(goal);
+            int set = found == Search.NO_WAY ? 1 << Bodies.UNSURE : bodies.preferred(goal, bodies.setOf(goal));
             if (found != Search.FOUND) bodies.settle(goal, set);
         }
     }
@@ -2013,19 +2014,17 @@ public final class Overloadery {
             return Integer.numberOfTrailingZeros(set);
         }
 
-        /** The body of an instance that is tried first, as a set; it depends on the taste. */
-        int preferred(int id) {
-            int set = setOf(id);
-            int others = set & ~disliked(id);
-            if (others != 0) set = others;
+        /** The body of an instance that is tried first, out of a set and as a set; it depends on the taste. */
+        int preferred(int id, int set) {
             if (taste == 0) return (set >> ITSELF & 1) == 1 ? 1 << ITSELF : set & -set;
             if (taste == 1) return Integer.highestOneBit(set);
             int mixed = (types.mixed(id) + taste) * MIX;
-            int left = (mixed >>> MIXED_AT) % Math.max(1, Integer.bitCount(set));
-            for (int i = 0; i < left; i++) {
-                set &= set - 1;
+            int others = (mixed >>> MIXED_AT) % Math.max(1, Integer.bitCount(set));
+            int left = set;
+            for (int i = 0; i < others; i++) {
+                left &= left - 1;
             }
-            return set & -set;
+            return left & -left;
         }
 
         int taste() {
@@ -3318,8 +3317,8 @@ public final class Overloadery {
         }
 
         /**
-         * Leaves just the goals. If what was chosen does not go with those that come about by way of it, it is forgotten, and
-         * chosen otherwise; tells whether there is another taste.
+         * If what was chosen does not go with those that come about by way of it, it is forgotten; tells whether it is to be
+         * tried to choose otherwise.
          */
         boolean triesAnother(boolean isClash, boolean isInTime, boolean hasNewDislike) {
             boolean isAnother = isClash && isInTime && (hasNewDislike || bodies.taste() < MOST_TASTES);
@@ -3329,7 +3328,6 @@ public final class Overloadery {
                 revoked++;
                 bodies.forgetChosen();
             }
-            dropNumbered();
             return isAnother;
         }
 
@@ -3989,8 +3987,10 @@ public final class Overloadery {
             for (int i = 0; i < height && i < FEW && bodies.hasDislikes(); i++) {
                 if (!bodies.isDecided(path[i]) && bodies.disliked(path[i]) != 0) which = path[i];
             }
+            int set = bodies.setOf(which);
+            int liked = set & ~bodies.disliked(which);
             bodies.startLevel();
-            narrow(which, bodies.preferred(which), GUESS);
+            narrow(which, bodies.preferred(which, liked == 0 ? set : liked), GUESS);
         }
 
         /** Whether one needs not be judged: it follows, or is judged elsewhere, or it may have any body. */

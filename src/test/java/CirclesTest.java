@@ -22,6 +22,7 @@ public final class CirclesTest {
             test.wayLeftByOneInBase(cls, false);
             test.wayLeftByOneInBase(cls, true);
             test.wayLeftByOneThatIsNew(cls);
+            test.wayLeftAsOtherHasOneWithoutBody(cls);
         }
         test.longChain();
         test.bigCircle(2);
@@ -94,6 +95,42 @@ public final class CirclesTest {
         c.due("it leads to one class", () -> leads(x, cell, 0) != leads(x, cell, 1), true);
         x.instance(2, 1, -1);
         leadsTo("a way left by one that is new", x, cell, cls);
+    }
+
+    /**
+     * Each cell leads to class 0 or to class 1, but in one way its base has an instance of template 2 in it, whose base has no
+     * body that goes with the document: that this leads to class 0 if it does not.
+     */
+    private void wayLeftAsOtherHasOneWithoutBody(int cls) {
+        Overloadery x = new Overloadery();
+        classes(x, 2);
+        int t0 = x.parameter(0);
+        int t1 = x.parameter(1);
+        for (int i = 0; i < 5; i++) {
+            x.addTemplate(i == 3 ? 2 : 1);
+        }
+        x.setBase(0, -1, x.instance(3, x.instance(0, t0, -1), t0));
+        int bad = x.instance(4, x.instance(2, t1, -1), -1);
+        for (int i = 0; i < 2; i++) {
+            x.specialise(3, t0, t1);
+            x.constrain(3, i, 0, 'd', i);
+            x.setBase(3, i, i == cls ? x.classType(i) : bad);
+        }
+        x.setBase(3, -1, x.classType(0));
+        x.setBase(4, -1, x.classType(1 - cls));
+        x.setBase(2, -1, x.instance(1, x.instance(2, t0, -1), -1));
+        x.specialise(1, t0, -1);
+        x.constrain(1, 0, 0, 'd', 0);
+        x.setBase(1, 0, x.classType(1));
+        x.setBase(1, -1, x.classType(0));
+        int[] cells = new int[6];
+        for (int i = 0; i < cells.length; i++) {
+            cells[i] = x.instance(0, Machine.pointers(x, 1, i), -1);
+        }
+        for (int cell : cells) {
+            c.due("a way without others", () -> x.distance(cell, x.classType(cls)), 2);
+            c.due("not the other way", () -> x.distance(cell, x.classType(1 - cls)), NO_ELEMENT);
+        }
     }
 
     private static boolean leads(Overloadery x, int type, int cls) {
