@@ -549,7 +549,8 @@ public final class Overloadery {
                     isConditional = isConditional || bodies.hasChosen();
                     if (step == ASIDE) isDue = explorer.putsNumbered() || found != Search.FOUND;
                     else isDue = !isNarrow && walk.putsMet();
-                    if (isDue) explorer.run(LOOKS_ASIDE);
+                    if (isDue && step == ASIDE) explorer.run(LOOKS_ASIDE);
+                    else if (isDue) explorer.runWithChosen(LOOKS_ASIDE);
                     break;
                 case ASIDE_ANEW:
                 case WIDE_ANEW:
@@ -866,6 +867,7 @@ public final class Overloadery {
         private long[] index = new long[CAPACITIES[0] / 4 * 3];
         /** The ids that are told are lower. */
         int count = POINTER;
+        private int askedFor;
         private int limit = CAPACITIES[0];
         private int stage;
         private boolean isShort;
@@ -904,6 +906,13 @@ public final class Overloadery {
         }
 
         // ---- types with numbers
+
+        /** Whether types got numbers since this was asked last. */
+        boolean hasNewNumbers() {
+            boolean hasNew = numbered != askedFor;
+            askedFor = numbered;
+            return hasNew;
+        }
 
         int numbered() {
             return numbered;
@@ -3149,7 +3158,8 @@ public final class Overloadery {
         private static final int MORE = 4;
         private static final int MOST_CHANGED = 1 << 17;
         /** How often what was chosen is forgotten for a question. */
-        private static final int MOST_REVOKED = 1 << 5;
+        private static final int MOST_REVOKED = 1 << 6;
+        private static final int PATIENCE = 1 << 4;
         private static final int MOST_TASTES = 1 << 6;
         private static final int MOST_SHORTS = 4;
 
@@ -3178,9 +3188,9 @@ public final class Overloadery {
         private boolean isAnew;
         private int changes = NONE;
         private int revoked;
-        private int numbered;
-        /** The one that was settled last, as no body goes with it. */
+        /** The one that was settled last, as no body goes with it; how often what was chosen is still to be forgotten if so. */
         private int settled = NONE;
+        private int patience;
         /** The goals whose bodies became fewer, as far as there is room. */
         private final int[] woken = new int[MOST_WOKEN];
         private int wokenCount;
@@ -3199,14 +3209,14 @@ public final class Overloadery {
         void begin() {
             chains.beginQuestion();
             templates.findEnds();
+            boolean hasNewNumbers = types.hasNewNumbers();
             if (templates.changes() != changes || types.isHalfFull()) {
                 changes = templates.changes();
                 types.forget();
                 bodies.forget();
-            } else if (bodies.hasSettled() || bodies.hasChosen() && types.numbered() != numbered) {
+            } else if (bodies.hasSettled() || hasNewNumbers && bodies.hasChosen()) {
                 bodies.forgetChosen();
             }
-            numbered = types.numbered();
             look.setDense(false);
             look.count();
             startAnew();
@@ -3214,6 +3224,7 @@ public final class Overloadery {
             bodies.clearGoals();
             types.tellIds();
             revoked = 0;
+            patience = PATIENCE;
         }
 
         private void startAnew() {
@@ -3252,6 +3263,14 @@ public final class Overloadery {
 
         int settled() {
             return settled;
+        }
+
+        /** Goes on, and forgets nothing that was chosen if no body goes with it for one. */
+        void runWithChosen(int limit) {
+            int before = patience;
+            patience = 0;
+            run(limit);
+            patience = before;
         }
 
         int woken() {
@@ -3328,12 +3347,14 @@ public final class Overloadery {
                 revoked++;
                 bodies.forgetChosen();
             }
+            patience = PATIENCE;
             return isAnother;
         }
 
         /** What was chosen does not go with what was found: it is forgotten, and all begins anew. */
         boolean revokes() {
-            if (!bodies.hasChosen() || revoked >= MOST_REVOKED) return false;
+            boolean mayRevoke = revoked < MOST_REVOKED || bodies.taste() > 0 || bodies.hasDislikes();
+            if (!bodies.hasChosen() || !mayRevoke) return false;
             revoked++;
             bodies.forgetChosen();
             isAnew = true;
@@ -3418,7 +3439,10 @@ public final class Overloadery {
             int before = bodies.setOf(id);
             int set = before & look.set();
             if (set == 0) {
-                if (revokes()) return false;
+                if (patience > 0 && revokes()) {
+                    patience--;
+                    return false;
+                }
                 // No body goes with what is known: it is not sure.
                 bodies.settle(id, 1 << Bodies.UNSURE);
                 settled = id;
