@@ -60,6 +60,7 @@ public final class Overloadery {
     private static final int AT_LEAST = 9;
     private static final int DONE = 10;
     private static final int TRIES = 1 << 10;
+    private static final int PATIENCE = 1 << 4;
     private static final int MOST_BLAMED = 1 << 6;
     private static final int MOST_GATHERED = 4;
 
@@ -549,8 +550,9 @@ public final class Overloadery {
                     isConditional = isConditional || bodies.hasChosen();
                     if (step == ASIDE) isDue = explorer.putsNumbered() || found != Search.FOUND;
                     else isDue = !isNarrow && walk.putsMet();
-                    if (isDue && step == ASIDE) explorer.run(LOOKS_ASIDE);
-                    else if (isDue) explorer.runWithChosen(LOOKS_ASIDE);
+                    explorer.setPatience(step == ASIDE ? PATIENCE : 0);
+                    if (isDue) explorer.run(LOOKS_ASIDE);
+                    explorer.setPatience(PATIENCE);
                     break;
                 case ASIDE_ANEW:
                 case WIDE_ANEW:
@@ -3159,7 +3161,6 @@ public final class Overloadery {
         private static final int MOST_CHANGED = 1 << 17;
         /** How often what was chosen is forgotten for a question. */
         private static final int MOST_REVOKED = 1 << 6;
-        private static final int PATIENCE = 1 << 4;
         private static final int MOST_TASTES = 1 << 6;
         private static final int MOST_SHORTS = 4;
 
@@ -3265,12 +3266,9 @@ public final class Overloadery {
             return settled;
         }
 
-        /** Goes on, and forgets nothing that was chosen if no body goes with it for one. */
-        void runWithChosen(int limit) {
-            int before = patience;
-            patience = 0;
-            run(limit);
-            patience = before;
+        /** How often what was chosen may be forgotten as it leaves no body for one; if not, that one is settled. */
+        void setPatience(int patience) {
+            this.patience = patience;
         }
 
         int woken() {
@@ -3347,7 +3345,6 @@ public final class Overloadery {
                 revoked++;
                 bodies.forgetChosen();
             }
-            patience = PATIENCE;
             return isAnother;
         }
 
