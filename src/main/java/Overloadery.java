@@ -33,6 +33,7 @@ public final class Overloadery {
     private static final int FARTHER = 3;
     private static final int LEVELS = 4;
     private static final int LOOKS_ASIDE = 1 << 14;
+    private static final int MOST_ASIDE = 1 << 20;
     private static final int SEARCHED_ASIDE = 1 << 16;
     private static final int TRIED_ASIDE = 1 << 17;
     private static final int MOST_LOOKS = 1 << 23;
@@ -83,6 +84,8 @@ public final class Overloadery {
     private boolean hadSettled;
     private boolean isBlamed;
     private int lastAside;
+    /** Whether candidates are looked for. */
+    private boolean isWalking;
     /** How often what was chosen had been forgotten when candidates were found. */
     private int gathered;
 
@@ -549,9 +552,9 @@ public final class Overloadery {
                 case WIDE:
                     isConditional = isConditional || bodies.hasChosen();
                     if (step == ASIDE) isDue = explorer.putsNumbered() || found != Search.FOUND;
-                    else isDue = !isNarrow && walk.putsMet();
+                    else isDue = !isNarrow && (isWalking ? walk.putsWalked() : walk.putsMet());
                     explorer.setPatience(step == ASIDE ? PATIENCE : 0);
-                    if (isDue) explorer.run(LOOKS_ASIDE);
+                    if (isDue) explorer.run(Math.max(LOOKS_ASIDE, Math.min(limit, MOST_ASIDE)));
                     explorer.setPatience(PATIENCE);
                     break;
                 case ASIDE_ANEW:
@@ -696,7 +699,9 @@ public final class Overloadery {
             if (!walk.isIdle() && waiting < MOST_WAITING) continue;
             if (waiting > 0 && look.looks() > ALL_LOOKS) break;
             if (waiting > 0) {
+                isWalking = true;
                 int found = foundWay(MOST_LOOKS, isWide, !explorer.isIdle());
+                isWalking = false;
                 if (found != Search.FOUND) settleGoals(LOOKS_ASIDE);
                 isWide = false;
                 continue;
@@ -4672,6 +4677,7 @@ public final class Overloadery {
         private static final int MOST_STEPS_ALONE = 1 << 22;
         private static final int MIXED = Frontier.ORDERS;
         private static final int MOST_MET = 1 << 13;
+        private static final int MOST_LEFT = 1 << 16;
         private static final int FEW = 1 << 6;
         private static final int MORE = 4;
 
@@ -4871,14 +4877,32 @@ public final class Overloadery {
             boolean isNew = false;
             findMet();
             for (int i = 0; i < metCount; i++) {
-                int id = met[i];
-                boolean isOpen = types.headOf(id) >= Types.SINGLE && bodies.isOpen(id);
-                if (!isOpen || bodies.is(id, Bodies.MEMBER)) continue;
-                bodies.mark(id, Bodies.NUMBERED);
-                explorer.put(id);
+                if (!isLeft(met[i])) continue;
+                bodies.mark(met[i], Bodies.NUMBERED);
+                explorer.put(met[i]);
                 isNew = true;
             }
             return isNew;
+        }
+
+        /** As putsMet, and besides those through which this went, if these are not too many. */
+        boolean putsWalked() {
+            boolean isNew = putsMet();
+            int left = 0;
+            for (int id = Types.POINTER; id < types.count; id++) {
+                if ((types.nodes[id] & Types.NOTED) != 0 && isLeft(id)) left++;
+            }
+            if (left == 0 || left > MOST_LEFT) return isNew;
+            for (int id = Types.POINTER; id < types.count; id++) {
+                if ((types.nodes[id] & Types.NOTED) == 0 || !isLeft(id)) continue;
+                bodies.mark(id, Bodies.NUMBERED);
+                explorer.put(id);
+            }
+            return true;
+        }
+
+        private boolean isLeft(int id) {
+            return types.headOf(id) >= Types.SINGLE && bodies.isOpen(id) && !bodies.is(id, Bodies.MEMBER);
         }
 
         /** The last one whose body was chosen on the way on which an instance comes about; NONE if there is none. */

@@ -21,6 +21,7 @@ public final class LargeCirclesTest {
         }
         for (int digits : new int[] {2, 6, 10}) {
             test.oneWayIsLeftLater(digits);
+            test.oneWayIsLeftAside(digits);
         }
         test.c.finish("LargeCirclesTest");
     }
@@ -220,6 +221,50 @@ public final class LargeCirclesTest {
             x.addArgument(x.instance(4, up, down), 'l');
         }
         c.due("one way is left later, " + digits, () -> x.candidates(0, 0), 0);
+    }
+
+    /**
+     * A machine counts up, and with each number it meets an instance of template 0, which leads to classes 0 and 2, or to class
+     * 1. The digits 1 are instances of template 1, which leave the second way alone; no base of these is class 2.
+     */
+    private void oneWayIsLeftAside(int digits) {
+        Overloadery x = new Overloadery();
+        x.addNamespace(0);
+        classes(x, 2);
+        x.addClass(1);
+        x.addBase(2, 0, false);
+        templates(x, 1, 1, 2, 2, 2);
+        int t0 = x.parameter(0);
+        int t1 = x.parameter(1);
+        x.setBase(0, -1, x.instance(3, x.instance(0, t0, -1), 0));
+        x.setBase(1, -1, x.instance(2, x.instance(1, t0, -1), x.instance(0, t0, -1)));
+        x.specialise(2, t0, t1);
+        x.constrain(2, 0, 0, 'd', 0);
+        x.constrain(2, 0, 1, 'd', 0);
+        x.setBase(2, 0, x.classType(1));
+        x.setBase(2, -1, x.classType(0));
+        x.specialise(3, t0, 0);
+        x.constrain(3, 0, 0, 'd', 0);
+        x.setBase(3, 0, x.classType(2));
+        x.specialise(3, t0, 0);
+        x.setBase(3, 1, x.classType(1));
+        int one = x.instance(1, t1, -1);
+        int zero = x.pointerTo(t1);
+        int more = x.pointerTo(t0);
+        int start = x.pointerTo(0);
+        x.specialise(4, t0, one);
+        x.constrain(4, 0, 0, 'p', 0);
+        x.setBase(4, 0, x.instance(4, x.instance(4, more, t1), x.instance(0, t1, -1)));
+        x.specialise(4, t0, zero);
+        x.constrain(4, 1, 0, 'p', 0);
+        x.setBase(4, 1, x.instance(4, x.instance(1, t0, -1), one));
+        x.specialise(4, x.instance(1, x.pointerTo(more), -1), t1);
+        x.setBase(4, 2, x.instance(4, x.instance(1, more, -1), zero));
+        x.specialise(4, x.instance(1, start, -1), t1);
+        x.setBase(4, 3, x.instance(4, start, t1));
+        x.addFunction(1, 0, false);
+        x.addArgument(x.instance(4, start, Machine.pointers(x, 1, digits)), 'l');
+        c.due("one way is left aside, " + digits, () -> x.candidates(0, 0), 0);
     }
 
     /** A machine in one template: a digit is carried, the other one is not; its numbers stand beside it in its bases. */
