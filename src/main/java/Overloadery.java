@@ -33,7 +33,8 @@ public final class Overloadery {
     private static final int FARTHER = 3;
     private static final int LEVELS = 4;
     private static final int LOOKS_ASIDE = 1 << 14;
-    private static final int MOST_ASIDE = 1 << 20;
+    private static final int MOST_ASIDE = 1 << 17;
+    private static final int LOOKS_OF_WALK = 1 << 20;
     private static final int SEARCHED_ASIDE = 1 << 16;
     private static final int TRIED_ASIDE = 1 << 17;
     private static final int MOST_LOOKS = 1 << 23;
@@ -554,7 +555,7 @@ public final class Overloadery {
                     if (step == ASIDE) isDue = explorer.putsNumbered() || found != Search.FOUND;
                     else isDue = !isNarrow && (isWalking ? walk.putsWalked() : walk.putsMet());
                     explorer.setPatience(step == ASIDE ? PATIENCE : 0);
-                    if (isDue) explorer.run(Math.max(LOOKS_ASIDE, Math.min(limit, MOST_ASIDE)));
+                    if (isDue) explorer.run(isWalking ? LOOKS_OF_WALK : step == WIDE && walk.hasMetAll() ? MOST_ASIDE : LOOKS_ASIDE);
                     explorer.setPatience(PATIENCE);
                     break;
                 case ASIDE_ANEW:
@@ -4676,7 +4677,7 @@ public final class Overloadery {
         private static final int MOST_STEPS = 1 << 24;
         private static final int MOST_STEPS_ALONE = 1 << 22;
         private static final int MIXED = Frontier.ORDERS;
-        private static final int MOST_MET = 1 << 13;
+        private static final int MOST_MET = 1 << 15;
         private static final int MOST_LEFT = 1 << 16;
         private static final int FEW = 1 << 6;
         private static final int MORE = 4;
@@ -4883,6 +4884,11 @@ public final class Overloadery {
                 isNew = true;
             }
             return isNew;
+        }
+
+        /** Whether there was room for all that come about by way of types that have numbers. */
+        boolean hasMetAll() {
+            return metCount < MOST_MET;
         }
 
         /** As putsMet, and besides those through which this went, if these are not too many. */
