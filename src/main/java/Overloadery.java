@@ -64,6 +64,7 @@ public final class Overloadery {
     private static final int TRIES = 1 << 10;
     private static final int PATIENCE = 1 << 4;
     private static final int MOST_BLAMED = 1 << 6;
+    private static final int MOST_LEFT_OUT = 1 << 4;
     private static final int MOST_GATHERED = 4;
 
     private final Types table;
@@ -85,6 +86,7 @@ public final class Overloadery {
     private boolean hadSettled;
     private boolean isBlamed;
     private int lastAside;
+    private int leftOut;
     /** Whether candidates are looked for. */
     private boolean isWalking;
     /** How often what was chosen had been forgotten when candidates were found. */
@@ -586,10 +588,12 @@ public final class Overloadery {
             } else if (isDue && step == WIDE || step == NARROW) {
                 found = Search.UNKNOWN;
             }
-            if (step < WIDE) hadSettled = bodies.hasSettled();
-            else if (step < NARROW && bodies.hasSettled() && !hadSettled) found = Search.NO_WAY;
+            found = judged(step, found);
             if (step == WIDE) isBlamed = found == Search.NO_WAY && isBlameFound();
-            step = nextStep(step, step == WIDE ? isDue : isReady, found == Search.FOUND);
+            boolean isLeftOut = step == ASIDE_ANEW && found == Search.NO_WAY && leavesOut();
+            if (isLeftOut) explorer.dropNumbered();
+            if (isLeftOut) found = Search.UNKNOWN;
+            step = isLeftOut ? ASIDE : nextStep(step, step == WIDE ? isDue : isReady, found == Search.FOUND);
         }
         bodies.setTaste(0);
         return found;
@@ -601,6 +605,7 @@ public final class Overloadery {
         isConditional = false;
         hadSettled = false;
         isBlamed = false;
+        leftOut = 0;
         lastAside = look.looks() + TRIED_ASIDE;
     }
 
@@ -616,6 +621,23 @@ public final class Overloadery {
             if (id != NONE && bodies.dislikes(id)) return true;
         }
         return false;
+    }
+
+    /** What was found in a step: no way, if it was settled that one has no body which comes about by what was chosen. */
+    private int judged(int step, int found) {
+        boolean isSettled = step >= WIDE && step < NARROW && bodies.hasSettled() && !hadSettled;
+        if (step < WIDE) hadSettled = bodies.hasSettled();
+        return isSettled ? Search.NO_WAY : found;
+    }
+
+    /** Leaves out one that has a number and no way: it is not sure for this question. */
+    private boolean leavesOut() {
+        int id = search.clashed();
+        boolean isLeftOut = id != NONE && !bodies.is(id, Bodies.GOAL) && bodies.isOpen(id) && leftOut < MOST_LEFT_OUT;
+        if (!isLeftOut) return false;
+        leftOut++;
+        bodies.settle(id, 1 << Bodies.UNSURE);
+        return true;
     }
 
     private static int modeOf(int step) {
@@ -4924,24 +4946,24 @@ public final class Overloadery {
         private void findMet() {
             metCount = 0;
             for (int i = 0; i < types.numbered(); i++) {
-                meet(types.id(i), NONE);
+                comesAbout(types.id(i), NONE);
             }
             for (int i = 0; i < metCount; i++) {
                 int id = met[i];
                 int head = types.headOf(id);
-                meet(types.first(id), ahead[i]);
-                if (head >= Types.TWOFOLD) meet(types.second(id), ahead[i]);
+                comesAbout(types.first(id), ahead[i]);
+                if (head >= Types.TWOFOLD) comesAbout(types.second(id), ahead[i]);
                 if (head < Types.SINGLE) continue;
                 int set = bodies.setOf(id);
                 boolean isChosen = Bodies.isChosen(types.infos[id]);
-                if (Bodies.isSingle(set)) meet(bodies.baseAt(id, Bodies.code(set)), isChosen ? i : ahead[i]);
+                if (Bodies.isSingle(set)) comesAbout(bodies.baseAt(id, Bodies.code(set)), isChosen ? i : ahead[i]);
             }
             for (int i = 0; i < metCount; i++) {
                 bodies.unmark(met[i], Bodies.MET);
             }
         }
 
-        private void meet(int id, int chosen) {
+        private void comesAbout(int id, int chosen) {
             if (id < Types.POINTER || bodies.is(id, Bodies.MET) || types.isShort()) return;
             if (metCount == met.length) {
                 if (metCount == MOST_MET) return;
