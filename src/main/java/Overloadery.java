@@ -65,6 +65,9 @@ public final class Overloadery {
     private static final int PATIENCE = 1 << 4;
     private static final int MOST_BLAMED = 1 << 6;
     private static final int MOST_LEFT_OUT = 1 << 4;
+    private static final int NO_CLASH = 0;
+    private static final int NO_WAY_ASIDE = 1;
+    private static final int WAY_FOR_GOALS = 2;
     private static final int MOST_GATHERED = 4;
 
     private final Types table;
@@ -87,6 +90,7 @@ public final class Overloadery {
     private boolean isBlamed;
     private int lastAside;
     private int leftOut;
+    private int clash;
     /** Whether candidates are looked for. */
     private boolean isWalking;
     /** How often what was chosen had been forgotten when candidates were found. */
@@ -590,10 +594,10 @@ public final class Overloadery {
             }
             found = judged(step, found);
             if (step == WIDE) isBlamed = found == Search.NO_WAY && isBlameFound();
-            boolean isLeftOut = step == ASIDE_ANEW && found == Search.NO_WAY && leavesOut();
-            if (isLeftOut) explorer.dropNumbered();
-            if (isLeftOut) found = Search.UNKNOWN;
-            step = isLeftOut ? ASIDE : nextStep(step, step == WIDE ? isDue : isReady, found == Search.FOUND);
+            boolean isAgain = goesAsideAgain(step, found);
+            if (isAgain) explorer.dropNumbered();
+            if (isAgain) found = Search.UNKNOWN;
+            step = isAgain ? ASIDE : nextStep(step, step == WIDE ? isDue : isReady, found == Search.FOUND);
         }
         bodies.setTaste(0);
         return found;
@@ -606,6 +610,7 @@ public final class Overloadery {
         hadSettled = false;
         isBlamed = false;
         leftOut = 0;
+        clash = NO_CLASH;
         lastAside = look.looks() + TRIED_ASIDE;
     }
 
@@ -628,6 +633,18 @@ public final class Overloadery {
         boolean isSettled = step >= WIDE && step < NARROW && bodies.hasSettled() && !hadSettled;
         if (step < WIDE) hadSettled = bodies.hasSettled();
         return isSettled ? Search.NO_WAY : found;
+    }
+
+    /** Whether there is a way for the goals, but none for those that have numbers, and one of these is left out. */
+    private boolean goesAsideAgain(int step, int found) {
+        if (step == ASIDE_ANEW && found == Search.NO_WAY) {
+            if (clash == WAY_FOR_GOALS) return leavesOut();
+            clash = NO_WAY_ASIDE;
+        }
+        if (step != TOGETHER || found != Search.FOUND || clash != NO_WAY_ASIDE) return false;
+        clash = WAY_FOR_GOALS;
+        explorer.forgetChosen();
+        return true;
     }
 
     /** Leaves out one that has a number and no way: it is not sure for this question. */
@@ -3369,10 +3386,7 @@ public final class Overloadery {
             boolean isAnother = isClash && isInTime && (hasNewDislike || bodies.taste() < MOST_TASTES);
             if (!isAnother) bodies.setTaste(0);
             else if (!hasNewDislike) bodies.setTaste(bodies.taste() + 1);
-            if (isClash) {
-                revoked++;
-                bodies.forgetChosen();
-            }
+            if (isClash) forgetChosen();
             return isAnother;
         }
 
@@ -3380,10 +3394,14 @@ public final class Overloadery {
         boolean revokes() {
             boolean mayRevoke = revoked < MOST_REVOKED || bodies.taste() > 0 || bodies.hasDislikes();
             if (!bodies.hasChosen() || !mayRevoke) return false;
-            revoked++;
-            bodies.forgetChosen();
+            forgetChosen();
             isAnew = true;
             return true;
+        }
+
+        void forgetChosen() {
+            revoked++;
+            bodies.forgetChosen();
         }
 
         // ---- going on
