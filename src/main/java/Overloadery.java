@@ -3858,6 +3858,7 @@ public final class Overloadery {
             judgedStrict = mode == FOR_ALL ? Types.POINTER : types.count;
             restarts = 0;
             isCut = false;
+            clashed = NONE;
             if (mode == FOR_ALL && bodies.hasDislikes()) enterDisliked();
             bottom = height;
         }
@@ -3961,6 +3962,7 @@ public final class Overloadery {
                 if (set != bodies.setOf(id)) narrow(id, set, NOGOOD + nogood);
                 return;
             }
+            clashed = height > bottom ? path[bottom] : nogoods.idAt(nogoods.start(nogood));
             nogoods.begin(bodies.level());
             for (int i = nogoods.start(nogood); i < nogoods.start(nogood + 1); i++) {
                 nogoods.add(nogoods.idAt(i), nogoods.setAt(i));
@@ -4107,7 +4109,7 @@ public final class Overloadery {
             }
         }
 
-        /** The one that was sought when something clashed last. */
+        /** The one that was sought when something clashed last, NONE if nothing did. */
         int clashed() {
             return clashed;
         }
